@@ -1,0 +1,1997 @@
+import java.util.Arrays;
+import java.util.NoSuchElementException;
+
+/** A language of schemas for values that nest; ../shared/DOC.md tells what each call promises. */
+public final class Formwarden {
+    private static final int LABELS = 4;
+    private static final int MOST_PARTS = 4;
+    private static final int MOST_DEPTH = 6;
+    private static final int MOST_VALUES = 200;
+    private static final int MOST_SCHEMAS = 50;
+    private static final int MOST_STEPS = 8;
+    private static final int MOST_SAMPLES = 8;
+    private static final int MOST_SIZE = 1000;
+    private static final int NAMES = 6;
+    private static final int NONE = -1;
+
+    private final Values pool = new Values();
+    private final Schemas book = new Schemas();
+    private final Members members = new Members(pool, book);
+    private final Faults lacks = new Faults(pool, book);
+    private final Schemas toldBook = new Schemas();
+    private final Faults told = new Faults(pool, toldBook);
+    private final Search search = new Search(book);
+    private final Lens lens = new Lens(pool);
+    private final Merger merger = new Merger(pool);
+    private final Finder finder = new Finder(pool, book);
+    private final int[] samples = new int[MOST_SAMPLES];
+    private final int[] row = new int[MOST_PARTS];
+    private int sampleCount;
+    private int clashes;
+
+    public Formwarden() {
+    }
+
+    // ---- values
+
+    public int value(char kind, int number) throws IllegalArgumentException, IllegalStateException {
+        if (!isLeaf(kind, number)) {
+            throw new IllegalArgumentException("no such kind, or the number is out of range");
+        }
+        clearRow();
+        pool.dropDrafts();
+        int kept = pool.keep(pool.draft(kind, kind == 'z' ? 0 : number, row, 0));
+        if (kept < 0) {
+            throw new IllegalStateException("there are 200 values");
+        }
+        return kept;
+    }
+
+    public int list(int first, int second, int third, int fourth)
+            throws IndexOutOfBoundsException, IllegalArgumentException, UnsupportedOperationException,
+            IllegalStateException {
+        if (!isPart(first) || !isPart(second) || !isPart(third) || !isPart(fourth)) {
+            throw new IndexOutOfBoundsException("no such value");
+        }
+        row[0] = first;
+        row[1] = second;
+        row[2] = third;
+        row[3] = fourth;
+        int length = rowLength();
+        if (length < 0) {
+            throw new IllegalArgumentException("-1 is told ahead of a part");
+        }
+        pool.dropDrafts();
+        int made = pool.draft('l', length, row, 0);
+        if (made < 0) {
+            throw new UnsupportedOperationException("the list would be too deep");
+        }
+        int kept = pool.keep(made);
+        if (kept < 0) {
+            throw new IllegalStateException("there are 200 values");
+        }
+        return kept;
+    }
+
+    public int record() throws IllegalStateException {
+        clearRow();
+        pool.dropDrafts();
+        int kept = pool.keep(pool.draft('o', 0, row, 0));
+        if (kept < 0) {
+            throw new IllegalStateException("there are 200 values");
+        }
+        return kept;
+    }
+
+    public int with(int record, int label, int value)
+            throws IndexOutOfBoundsException, IllegalArgumentException, UnsupportedOperationException,
+            IllegalStateException {
+        if (!pool.has(record) || !isPart(value) || !isLabel(label)) {
+            throw new IndexOutOfBoundsException("no such value or label");
+        }
+        if (!pool.isRecord(record)) {
+            throw new IllegalArgumentException("it is no record");
+        }
+        pool.dropDrafts();
+        int made = pool.labelled(record, label, value);
+        if (made < 0) {
+            throw new UnsupportedOperationException("the record would be too deep");
+        }
+        int kept = pool.keep(made);
+        if (kept < 0) {
+            throw new IllegalStateException("there are 200 values");
+        }
+        return kept;
+    }
+
+    public int values() {
+        return pool.count;
+    }
+
+    public char kindOf(int value) throws IndexOutOfBoundsException {
+        if (!pool.has(value)) {
+            throw new IndexOutOfBoundsException("no such value");
+        }
+        return pool.kinds[value];
+    }
+
+    public int numberOf(int value) throws IndexOutOfBoundsException {
+        if (!pool.has(value)) {
+            throw new IndexOutOfBoundsException("no such value");
+        }
+        return pool.numbers[value];
+    }
+
+    public int part(int value, int index) throws IndexOutOfBoundsException, NoSuchElementException {
+        if (!pool.has(value)) {
+            throw new IndexOutOfBoundsException("no such value");
+        }
+        int found = pool.at(value, index);
+        if (found < 0) {
+            throw new NoSuchElementException("it has no such part");
+        }
+        return found;
+    }
+
+    public int size(int value) throws IndexOutOfBoundsException {
+        if (!pool.has(value)) {
+            throw new IndexOutOfBoundsException("no such value");
+        }
+        return pool.sizes[value];
+    }
+
+    // ---- schemas
+
+    public int schema(char kind, int a, int b, int c)
+            throws IllegalArgumentException, IndexOutOfBoundsException, IllegalStateException {
+        if (!Schemas.isKind(kind) || !Schemas.isInRange(kind, a, b, c)) {
+            throw new IllegalArgumentException("no such kind, or a number is out of range");
+        }
+        if (!book.hasParts(kind, a, b)) {
+            throw new IndexOutOfBoundsException("no such schema as a part");
+        }
+        int made = book.add(kind, a, b, c);
+        if (made < 0) {
+            throw new IllegalStateException("there are 50 schemas");
+        }
+        return made;
+    }
+
+    public boolean field(int schema, int label, int item, boolean must)
+            throws IndexOutOfBoundsException, IllegalArgumentException {
+        if (!book.has(schema) || !isLabel(label) || (item != NONE && !book.has(item))) {
+            throw new IndexOutOfBoundsException("no such schema or label");
+        }
+        if (book.kinds[schema] != 'o' || item >= schema) {
+            throw new IllegalArgumentException("it is no record schema, or the schema has no lower number");
+        }
+        return book.tell(schema, label, item, must) >= 0;
+    }
+
+    public int bind(int name, int schema) throws IndexOutOfBoundsException, UnsupportedOperationException {
+        if (name < 0 || name >= NAMES || !book.has(schema)) {
+            throw new IndexOutOfBoundsException("no such name or schema");
+        }
+        if (book.leadsTo(schema, name)) {
+            throw new UnsupportedOperationException("the name would come back to itself");
+        }
+        return book.rebind(name, schema);
+    }
+
+    public int schemas() {
+        return book.count;
+    }
+
+    public boolean isOf(int value, int schema) throws IndexOutOfBoundsException {
+        if (!pool.has(value) || !book.has(schema)) {
+            throw new IndexOutOfBoundsException("no such value or schema");
+        }
+        return members.belongs(value, schema);
+    }
+
+    public int faults(int value, int schema) throws IndexOutOfBoundsException {
+        if (!pool.has(value) || !book.has(schema)) {
+            throw new IndexOutOfBoundsException("no such value or schema");
+        }
+        toldBook.become(book);
+        told.remember(value, schema);
+        return told.rememberedCount();
+    }
+
+    public char faultAt(int index) throws IndexOutOfBoundsException {
+        if (index < 0 || index >= told.rememberedCount()) {
+            throw new IndexOutOfBoundsException("no such fault");
+        }
+        told.seek(index);
+        return told.letter;
+    }
+
+    public int pathAt(int index) throws IndexOutOfBoundsException {
+        if (index < 0 || index >= told.rememberedCount()) {
+            throw new IndexOutOfBoundsException("no such fault");
+        }
+        told.seek(index);
+        return told.path;
+    }
+
+    public boolean isEmpty(int schema) throws IndexOutOfBoundsException {
+        if (!book.has(schema)) {
+            throw new IndexOutOfBoundsException("no such schema");
+        }
+        return search.smallest(schema, NONE) == 0;
+    }
+
+    public boolean isWithin(int schema, int other) throws IndexOutOfBoundsException {
+        if (!book.has(schema) || !book.has(other)) {
+            throw new IndexOutOfBoundsException("no such schema");
+        }
+        return search.smallest(schema, other) == 0;
+    }
+
+    public int gap(int schema, int other) throws IndexOutOfBoundsException, NoSuchElementException {
+        if (!book.has(schema) || !book.has(other)) {
+            throw new IndexOutOfBoundsException("no such schema");
+        }
+        int found = search.smallest(schema, other);
+        if (found == 0) {
+            throw new NoSuchElementException("the schema is within the other one");
+        }
+        return found;
+    }
+
+    public int least(int schema) throws IndexOutOfBoundsException, NoSuchElementException {
+        if (!book.has(schema)) {
+            throw new IndexOutOfBoundsException("no such schema");
+        }
+        int found = search.smallest(schema, NONE);
+        if (found == 0) {
+            throw new NoSuchElementException("the schema has no values");
+        }
+        return found;
+    }
+
+    // ---- views, merging, samples
+
+    public int step(char kind, int a, int b)
+            throws IllegalArgumentException, IndexOutOfBoundsException, IllegalStateException {
+        if (!isLabel(a) || !Lens.takes(kind, a, b)) {
+            throw new IllegalArgumentException("no such kind, label or symbol, or both labels are the same");
+        }
+        if (kind == 'a' && !pool.has(b)) {
+            throw new IndexOutOfBoundsException("no such value");
+        }
+        int steps = lens.add(kind, a, b);
+        if (steps < 0) {
+            throw new IllegalStateException("there are 8 steps");
+        }
+        return steps;
+    }
+
+    public int clearSteps() {
+        int before = lens.count;
+        lens.count = 0;
+        return before;
+    }
+
+    public int get(int record)
+            throws IndexOutOfBoundsException, UnsupportedOperationException, IllegalStateException {
+        if (!pool.has(record)) {
+            throw new IndexOutOfBoundsException("no such value");
+        }
+        pool.dropDrafts();
+        int made = lens.viewOf(record);
+        if (made < 0) {
+            throw new UnsupportedOperationException("it is no record, a step does not fit, or it is too deep");
+        }
+        int kept = pool.keep(made);
+        if (kept < 0) {
+            throw new IllegalStateException("there are 200 values");
+        }
+        return kept;
+    }
+
+    public int put(int record, int view)
+            throws IndexOutOfBoundsException, UnsupportedOperationException, IllegalStateException {
+        if (!pool.has(record) || !pool.has(view)) {
+            throw new IndexOutOfBoundsException("no such value");
+        }
+        pool.dropDrafts();
+        int made = lens.putBack(record, view);
+        if (made < 0) {
+            throw new UnsupportedOperationException("one is no record, a step does not fit, or it is too deep");
+        }
+        int kept = pool.keep(made);
+        if (kept < 0) {
+            throw new IllegalStateException("there are 200 values");
+        }
+        return kept;
+    }
+
+    public int merge(int first, int one, int other) throws IndexOutOfBoundsException, IllegalStateException {
+        if (!pool.has(first) || !pool.has(one) || !pool.has(other)) {
+            throw new IndexOutOfBoundsException("no such value");
+        }
+        pool.dropDrafts();
+        int kept = pool.keep(merger.merged(first, one, other));
+        if (kept < 0) {
+            throw new IllegalStateException("there are 200 values");
+        }
+        clashes = merger.clashes;
+        return kept;
+    }
+
+    public int conflicts() {
+        return clashes;
+    }
+
+    public int sample(int value) throws IndexOutOfBoundsException, IllegalStateException {
+        if (!pool.has(value)) {
+            throw new IndexOutOfBoundsException("no such value");
+        }
+        if (sampleCount >= MOST_SAMPLES) {
+            throw new IllegalStateException("there are 8 samples");
+        }
+        samples[sampleCount] = value;
+        sampleCount++;
+        return sampleCount;
+    }
+
+    public int clearSamples() {
+        int before = sampleCount;
+        sampleCount = 0;
+        return before;
+    }
+
+    public int infer() throws IllegalStateException {
+        int found = finder.found(samples, sampleCount);
+        if (found < 0) {
+            throw new IllegalStateException("there would be more than 50 schemas");
+        }
+        return found;
+    }
+
+    public boolean fits(int schema) throws IndexOutOfBoundsException {
+        if (!book.has(schema)) {
+            throw new IndexOutOfBoundsException("no such schema");
+        }
+        for (int i = 0; i < sampleCount; i++) {
+            if (!members.belongs(samples[i], schema)) {
+                return false;
+            }
+        }
+        return true;
+    }
+
+    public long gaps(int schema) throws IndexOutOfBoundsException {
+        if (!book.has(schema)) {
+            throw new IndexOutOfBoundsException("no such schema");
+        }
+        long sum = 0;
+        for (int other = 0; other < book.count; other++) {
+            sum += search.smallest(schema, other);
+        }
+        return sum;
+    }
+
+    public float share(int schema) throws IndexOutOfBoundsException, ArithmeticException {
+        if (!book.has(schema)) {
+            throw new IndexOutOfBoundsException("no such schema");
+        }
+        if (pool.count == 0) {
+            throw new ArithmeticException("there are no values");
+        }
+        int those = 0;
+        for (int v = 0; v < pool.count; v++) {
+            if (members.belongs(v, schema)) {
+                those++;
+            }
+        }
+        return (float) those / (float) pool.count;
+    }
+
+    public double meanSize() throws ArithmeticException {
+        if (pool.count == 0) {
+            throw new ArithmeticException("there are no values");
+        }
+        int sum = 0;
+        for (int v = 0; v < pool.count; v++) {
+            sum += pool.sizes[v];
+        }
+        return (double) sum / (double) pool.count;
+    }
+
+    public boolean isBorneOut(int schema, int other) throws IndexOutOfBoundsException {
+        if (!book.has(schema) || !book.has(other)) {
+            throw new IndexOutOfBoundsException("no such schema");
+        }
+        return bearsOut(schema, other) && bearsOut(other, schema) && agrees(schema) && agrees(other);
+    }
+
+    private boolean bearsOut(int schema, int other) {
+        int found = search.smallest(schema, other);
+        for (int v = 0; v < pool.count; v++) {
+            if (members.belongs(v, schema) && !members.belongs(v, other)
+                    && (found == 0 || found > pool.sizes[v])) {
+                return false;
+            }
+        }
+        return true;
+    }
+
+    private boolean agrees(int schema) {
+        for (int v = 0; v < pool.count; v++) {
+            if (members.belongs(v, schema) != (lacks.howMany(v, schema) == 0)) {
+                return false;
+            }
+        }
+        return true;
+    }
+
+    private boolean isPart(int value) {
+        return value == NONE || pool.has(value);
+    }
+
+    private static boolean isLabel(int label) {
+        return label >= 0 && label < LABELS;
+    }
+
+    private static boolean isLeaf(char kind, int number) {
+        switch (kind) {
+            case 'z':
+                return true;
+            case 'b':
+                return number >= 0 && number <= 1;
+            case 'n':
+                return number >= -99 && number <= 99;
+            case 's':
+                return number >= 0 && number <= 9;
+            default:
+                return false;
+        }
+    }
+
+    private void clearRow() {
+        Arrays.fill(row, NONE);
+    }
+
+    /** The number of parts told in the row, or -1 if one stands behind a gap. */
+    private int rowLength() {
+        int length = 0;
+        for (int i = 0; i < MOST_PARTS; i++) {
+            if (row[i] >= 0) {
+                if (length < i) {
+                    return NONE;
+                }
+                length++;
+            }
+        }
+        return length;
+    }
+
+    /**
+     * The values, and drafts of values behind them: a call that may fail late works on drafts,
+     * and keeps those that its answer has only when nothing can go wrong any more.
+     */
+    private static final class Values {
+        private static final int DRAFTS = 400;
+        private static final int ROOM = MOST_VALUES + DRAFTS;
+
+        final char[] kinds = new char[ROOM];
+        final int[] numbers = new int[ROOM];
+        final int[] sizes = new int[ROOM];
+        private final int[] parts = new int[MOST_PARTS * ROOM];
+        private final int[] depths = new int[ROOM];
+        private final int[] places = new int[ROOM];
+        private final int[] fresh = new int[DRAFTS];
+        private final int[] work = new int[MOST_PARTS];
+        int count;
+        private int drafts;
+        private int freshCount;
+
+        boolean has(int value) {
+            return value >= 0 && value < count;
+        }
+
+        private boolean stands(int value) {
+            return has(value) || (value >= MOST_VALUES && value < MOST_VALUES + drafts);
+        }
+
+        boolean isRecord(int value) {
+            return stands(value) && kinds[value] == 'o';
+        }
+
+        boolean isList(int value) {
+            return stands(value) && kinds[value] == 'l';
+        }
+
+        /** The part at a place or label, or -1. */
+        int at(int value, int index) {
+            if (!stands(value) || index < 0 || index >= MOST_PARTS) {
+                return NONE;
+            }
+            return parts[value * MOST_PARTS + index];
+        }
+
+        void dropDrafts() {
+            drafts = 0;
+        }
+
+        /** The value with these parts, kept or drafted, or -1 if it would be too deep. */
+        int draft(char kind, int number, int[] row, int from) {
+            if (from < 0 || from + MOST_PARTS > row.length) {
+                return NONE;
+            }
+            int depth = 1;
+            int size = 1;
+            for (int i = 0; i < MOST_PARTS; i++) {
+                int part = row[from + i];
+                if (stands(part)) {
+                    depth = Math.max(depth, depths[part] + 1);
+                    size += sizes[part];
+                }
+            }
+            if (depth > MOST_DEPTH) {
+                return NONE;
+            }
+            int same = findSame(kind, number, row, from);
+            if (same >= 0) {
+                return same;
+            }
+            if (drafts >= DRAFTS) {
+                return NONE;
+            }
+            int made = MOST_VALUES + drafts;
+            drafts++;
+            fill(made, kind, number, depth, size);
+            System.arraycopy(row, from, parts, made * MOST_PARTS, MOST_PARTS);
+            places[made] = NONE;
+            return made;
+        }
+
+        private void fill(int value, char kind, int number, int depth, int size) {
+            kinds[value] = kind;
+            numbers[value] = number;
+            depths[value] = depth;
+            sizes[value] = size;
+        }
+
+        private int findSame(char kind, int number, int[] row, int from) {
+            for (int v = 0; v < count; v++) {
+                if (isSame(v, kind, number, row, from)) {
+                    return v;
+                }
+            }
+            for (int v = MOST_VALUES; v < MOST_VALUES + drafts; v++) {
+                if (isSame(v, kind, number, row, from)) {
+                    return v;
+                }
+            }
+            return NONE;
+        }
+
+        private boolean isSame(int value, char kind, int number, int[] row, int from) {
+            if (kinds[value] != kind || numbers[value] != number) {
+                return false;
+            }
+            for (int i = 0; i < MOST_PARTS; i++) {
+                if (parts[value * MOST_PARTS + i] != row[from + i]) {
+                    return false;
+                }
+            }
+            return true;
+        }
+
+        /** What the record becomes with a value, or -1 for none, at a label; -1 if that is too deep. */
+        int labelled(int record, int label, int value) {
+            if (!isRecord(record) || label < 0 || label >= LABELS) {
+                return NONE;
+            }
+            System.arraycopy(parts, record * MOST_PARTS, work, 0, MOST_PARTS);
+            work[label] = value;
+            return draft('o', labelBits(work, 0), work, 0);
+        }
+
+        static int labelBits(int[] row, int from) {
+            int bits = 0;
+            for (int i = 0; i < LABELS; i++) {
+                if (row[from + i] >= 0) {
+                    bits |= 1 << i;
+                }
+            }
+            return bits;
+        }
+
+        /** Numbers a draft and its drafted parts, the parts first; -1, and nothing done, if there is no room. */
+        int keep(int value) {
+            if (!stands(value)) {
+                return NONE;
+            }
+            if (value < MOST_VALUES) {
+                return value;
+            }
+            freshCount = 0;
+            place(value, 1);
+            if (count + freshCount > MOST_VALUES) {
+                return NONE;
+            }
+            for (int i = 0; i < freshCount; i++) {
+                move(fresh[i]);
+            }
+            return places[value];
+        }
+
+        private void place(int value, int depth) {
+            if (value < MOST_VALUES || places[value] >= 0 || depth > MOST_DEPTH || freshCount >= DRAFTS) {
+                return;
+            }
+            for (int i = 0; i < MOST_PARTS; i++) {
+                place(parts[value * MOST_PARTS + i], depth + 1);
+            }
+            places[value] = count + freshCount;
+            fresh[freshCount] = value;
+            freshCount++;
+        }
+
+        private void move(int value) {
+            int place = count;
+            fill(place, kinds[value], numbers[value], depths[value], sizes[value]);
+            for (int i = 0; i < MOST_PARTS; i++) {
+                int part = parts[value * MOST_PARTS + i];
+                parts[place * MOST_PARTS + i] = part >= MOST_VALUES ? places[part] : part;
+            }
+            count++;
+        }
+    }
+
+    /** The schemas and what the names are bound to. */
+    private static final class Schemas {
+        final char[] kinds = new char[MOST_SCHEMAS];
+        final int[] firsts = new int[MOST_SCHEMAS];
+        final int[] seconds = new int[MOST_SCHEMAS];
+        final int[] thirds = new int[MOST_SCHEMAS];
+        private final int[] items = new int[MOST_SCHEMAS * LABELS];
+        private final int[] musts = new int[MOST_SCHEMAS * LABELS];
+        private final int[] bound = {NONE, NONE, NONE, NONE, NONE, NONE};
+        /** Each schema behind all that it is joined from without a list or record between. */
+        final int[] order = new int[MOST_SCHEMAS];
+        int count;
+        /** Grows when a schema comes to mean something else, so that what was worked out can be thrown away. */
+        int edition;
+
+        boolean has(int schema) {
+            return schema >= 0 && schema < count;
+        }
+
+        static boolean isKind(char kind) {
+            switch (kind) {
+                case 'a':
+                case '0':
+                case 'z':
+                case 'b':
+                case 'n':
+                case 's':
+                case 'l':
+                case 'o':
+                case 'u':
+                case '&':
+                case '!':
+                case 'r':
+                    return true;
+                default:
+                    return false;
+            }
+        }
+
+        static boolean isInRange(char kind, int a, int b, int c) {
+            switch (kind) {
+                case 'n':
+                    return a >= -99 && a <= b && b <= 99;
+                case 's':
+                    return a >= 0 && a <= 1023;
+                case 'l':
+                    return b >= 0 && b <= c && c <= MOST_PARTS;
+                case 'o':
+                    return a == 0 || a == 1;
+                case 'r':
+                    return a >= 0 && a < NAMES;
+                default:
+                    return true;
+            }
+        }
+
+        boolean hasParts(char kind, int a, int b) {
+            switch (kind) {
+                case 'u':
+                case '&':
+                    return has(a) && has(b);
+                case '!':
+                case 'l':
+                    return has(a);
+                default:
+                    return true;
+            }
+        }
+
+        /** The new schema, or -1 if there is no room. */
+        int add(char kind, int a, int b, int c) {
+            if (count >= MOST_SCHEMAS) {
+                return NONE;
+            }
+            int made = count;
+            kinds[made] = kind;
+            firsts[made] = a;
+            seconds[made] = b;
+            thirds[made] = c;
+            for (int label = 0; label < LABELS; label++) {
+                items[made * LABELS + label] = NONE;
+                musts[made * LABELS + label] = 0;
+            }
+            order[made] = made;
+            count++;
+            return made;
+        }
+
+        /** Tells a label, and returns what was told before, or -1. */
+        int tell(int schema, int label, int item, boolean must) {
+            int place = schema * LABELS + label;
+            int before = items[place];
+            items[place] = item;
+            musts[place] = must && item >= 0 ? 1 : 0;
+            edition++;
+            return before;
+        }
+
+        /** The schema told for a label, or -1. */
+        int itemAt(int schema, int label) {
+            if (!has(schema) || label < 0 || label >= LABELS) {
+                return NONE;
+            }
+            return items[schema * LABELS + label];
+        }
+
+        boolean mustHave(int schema, int label) {
+            return itemAt(schema, label) >= 0 && musts[schema * LABELS + label] == 1;
+        }
+
+        boolean isClosed(int schema) {
+            return has(schema) && firsts[schema] == 1;
+        }
+
+        /** The schema to which the name of an 'r' is bound, or -1. */
+        int target(int schema) {
+            if (!has(schema) || firsts[schema] < 0 || firsts[schema] >= NAMES) {
+                return NONE;
+            }
+            return bound[firsts[schema]];
+        }
+
+        int rebind(int name, int schema) {
+            int before = bound[name];
+            bound[name] = schema;
+            edition++;
+            arrange();
+            return before;
+        }
+
+        /** Whether a name is met from the schema by joins and names alone. */
+        boolean leadsTo(int schema, int name) {
+            long met = 1L << schema;
+            long before = 0;
+            for (int pass = 0; pass < MOST_SCHEMAS && met != before; pass++) {
+                before = met;
+                for (int s = 0; s < count; s++) {
+                    if ((met >> s & 1) == 1) {
+                        met |= joined(s);
+                    }
+                }
+            }
+            for (int s = 0; s < count; s++) {
+                if ((met >> s & 1) == 1 && kinds[s] == 'r' && firsts[s] == name) {
+                    return true;
+                }
+            }
+            return false;
+        }
+
+        /** The bits of the schemas that tell of the same value as this one. */
+        long joined(int schema) {
+            switch (kinds[schema]) {
+                case 'u':
+                case '&':
+                    return 1L << firsts[schema] | 1L << seconds[schema];
+                case '!':
+                    return 1L << firsts[schema];
+                case 'r':
+                    return target(schema) < 0 ? 0 : 1L << target(schema);
+                default:
+                    return 0;
+            }
+        }
+
+        /** The bits of the schemas that tell of the parts of a value of this one. */
+        long nested(int schema) {
+            if (kinds[schema] == 'l') {
+                return 1L << firsts[schema];
+            }
+            long bits = 0;
+            if (kinds[schema] == 'o') {
+                for (int label = 0; label < LABELS; label++) {
+                    int item = itemAt(schema, label);
+                    bits |= item < 0 ? 0 : 1L << item;
+                }
+            }
+            return bits;
+        }
+
+        private void arrange() {
+            long placed = 0;
+            int next = 0;
+            for (int pass = 0; pass < MOST_SCHEMAS && next < count; pass++) {
+                for (int s = 0; s < count && next < count; s++) {
+                    if ((placed >> s & 1) == 0 && (joined(s) & ~placed) == 0) {
+                        placed |= 1L << s;
+                        order[next] = s;
+                        next++;
+                    }
+                }
+            }
+        }
+
+        /** Takes back all schemas from this number on. */
+        void cut(int number) {
+            if (number >= 0 && number < count) {
+                count = number;
+            }
+        }
+
+        void become(Schemas other) {
+            System.arraycopy(other.kinds, 0, kinds, 0, MOST_SCHEMAS);
+            System.arraycopy(other.firsts, 0, firsts, 0, MOST_SCHEMAS);
+            System.arraycopy(other.seconds, 0, seconds, 0, MOST_SCHEMAS);
+            System.arraycopy(other.thirds, 0, thirds, 0, MOST_SCHEMAS);
+            System.arraycopy(other.items, 0, items, 0, MOST_SCHEMAS * LABELS);
+            System.arraycopy(other.musts, 0, musts, 0, MOST_SCHEMAS * LABELS);
+            System.arraycopy(other.bound, 0, bound, 0, NAMES);
+            System.arraycopy(other.order, 0, order, 0, MOST_SCHEMAS);
+            count = other.count;
+            edition = other.edition;
+        }
+    }
+
+    /** Which values are of which schemas, a bit for each schema, worked out once until a schema changes. */
+    private static final class Members {
+        private final Values pool;
+        private final Schemas book;
+        private final long[] bits = new long[MOST_VALUES];
+        private final int[] editions = new int[MOST_VALUES];
+        private final int[] filled = new int[MOST_VALUES];
+
+        Members(Values pool, Schemas book) {
+            this.pool = pool;
+            this.book = book;
+        }
+
+        boolean belongs(int value, int schema) {
+            if (!pool.has(value) || !book.has(schema)) {
+                return false;
+            }
+            work(value, 1);
+            return (bits[value] >> schema & 1) == 1;
+        }
+
+        private void work(int value, int depth) {
+            if (!pool.has(value) || depth > MOST_DEPTH) {
+                return;
+            }
+            if (editions[value] != book.edition) {
+                editions[value] = book.edition;
+                filled[value] = 0;
+                bits[value] = 0;
+            }
+            if (filled[value] >= book.count) {
+                return;
+            }
+            for (int i = 0; i < MOST_PARTS; i++) {
+                work(pool.at(value, i), depth + 1);
+            }
+            for (int i = filled[value]; i < book.count; i++) {
+                int schema = book.order[i];
+                if (isMember(value, schema)) {
+                    bits[value] |= 1L << schema;
+                }
+            }
+            filled[value] = book.count;
+        }
+
+        private boolean isMember(int value, int schema) {
+            char kind = book.kinds[schema];
+            int a = book.firsts[schema];
+            int b = book.seconds[schema];
+            switch (kind) {
+                case 'a':
+                    return true;
+                case 'u':
+                    return hasBit(value, a) || hasBit(value, b);
+                case '&':
+                    return hasBit(value, a) && hasBit(value, b);
+                case '!':
+                    return !hasBit(value, a);
+                case 'r':
+                    return hasBit(value, book.target(schema));
+                default:
+                    return kind == pool.kinds[value] && isMemberByParts(value, schema);
+            }
+        }
+
+        private boolean hasBit(int value, int schema) {
+            return value >= 0 && schema >= 0 && (bits[value] >> schema & 1) == 1;
+        }
+
+        private boolean isMemberByParts(int value, int schema) {
+            int number = pool.numbers[value];
+            int a = book.firsts[schema];
+            switch (book.kinds[schema]) {
+                case 'z':
+                case 'b':
+                    return true;
+                case 'n':
+                    return number >= a && number <= book.seconds[schema];
+                case 's':
+                    return (a >> number & 1) == 1;
+                case 'l':
+                    return number >= book.seconds[schema] && number <= book.thirds[schema]
+                            && haveAll(value, number, a);
+                case 'o':
+                    return isFieldwise(value, schema);
+                default:
+                    return false;
+            }
+        }
+
+        private boolean haveAll(int value, int length, int item) {
+            for (int i = 0; i < length; i++) {
+                if (!hasBit(pool.at(value, i), item)) {
+                    return false;
+                }
+            }
+            return true;
+        }
+
+        private boolean isFieldwise(int value, int schema) {
+            for (int label = 0; label < LABELS; label++) {
+                int item = book.itemAt(schema, label);
+                int there = pool.at(value, label);
+                if (there < 0 ? book.mustHave(schema, label)
+                        : item < 0 ? book.isClosed(schema) : !hasBit(there, item)) {
+                    return false;
+                }
+            }
+            return true;
+        }
+    }
+
+    /**
+     * What values lack. Faults can be more than could be listed, so they are counted for each value
+     * and schema, and the one at an index is sought down along the counts.
+     */
+    private static final class Faults {
+        private static final long MANY = 1L << 60;
+        private static final int MOST_SEEKING = 1000;
+
+        private final Values pool;
+        private final Schemas book;
+        private final long[] counts = new long[MOST_VALUES * MOST_SCHEMAS];
+        private final int[] editions = new int[MOST_VALUES];
+        private final int[] filled = new int[MOST_VALUES];
+        private int value = NONE;
+        private int schema = NONE;
+        private long left;
+        char letter;
+        int path;
+
+        Faults(Values pool, Schemas book) {
+            this.pool = pool;
+            this.book = book;
+        }
+
+        void remember(int ofValue, int ofSchema) {
+            value = ofValue;
+            schema = ofSchema;
+        }
+
+        int rememberedCount() {
+            return value < 0 ? 0 : (int) Math.min(howMany(value, schema), Integer.MAX_VALUE);
+        }
+
+        long howMany(int ofValue, int ofSchema) {
+            if (!pool.has(ofValue) || !book.has(ofSchema)) {
+                return 0;
+            }
+            work(ofValue, 1);
+            return counts[ofValue * MOST_SCHEMAS + ofSchema];
+        }
+
+        private void work(int v, int depth) {
+            if (!pool.has(v) || depth > MOST_DEPTH) {
+                return;
+            }
+            if (editions[v] != book.edition) {
+                editions[v] = book.edition;
+                filled[v] = 0;
+            }
+            if (filled[v] >= book.count) {
+                return;
+            }
+            for (int i = 0; i < MOST_PARTS; i++) {
+                work(pool.at(v, i), depth + 1);
+            }
+            for (int i = filled[v]; i < book.count; i++) {
+                int s = book.order[i];
+                counts[v * MOST_SCHEMAS + s] = countOf(v, s);
+            }
+            filled[v] = book.count;
+        }
+
+        private long counted(int v, int s) {
+            return v < 0 || s < 0 ? 0 : counts[v * MOST_SCHEMAS + s];
+        }
+
+        private long countOf(int v, int s) {
+            switch (book.kinds[s]) {
+                case 'a':
+                    return 0;
+                case '0':
+                    return 1;
+                case 'u':
+                    return Math.min(counted(v, book.firsts[s]), counted(v, book.seconds[s]));
+                case '&':
+                    return sum(counted(v, book.firsts[s]), counted(v, book.seconds[s]));
+                case '!':
+                    return counted(v, book.firsts[s]) == 0 ? 1 : 0;
+                case 'r':
+                    return book.target(s) < 0 ? 1 : counted(v, book.target(s));
+                default:
+                    char own = ownFault(v, s);
+                    return own == 'k' ? 1 : sum(own == ' ' ? 0 : 1, partFaults(v, s));
+            }
+        }
+
+        private static long sum(long one, long other) {
+            return Math.min(one + other, MANY);
+        }
+
+        /** The fault of the value by its kind, number or length, or a blank. */
+        private char ownFault(int v, int s) {
+            char kind = book.kinds[s];
+            int number = pool.numbers[v];
+            if (kind != pool.kinds[v]) {
+                return 'k';
+            }
+            switch (kind) {
+                case 'n':
+                    return number < book.firsts[s] || number > book.seconds[s] ? 'r' : ' ';
+                case 's':
+                    return (book.firsts[s] >> number & 1) == 0 ? 'm' : ' ';
+                case 'l':
+                    return number < book.seconds[s] || number > book.thirds[s] ? 'g' : ' ';
+                default:
+                    return ' ';
+            }
+        }
+
+        private long partFaults(int v, int s) {
+            long all = 0;
+            for (int i = 0; i < MOST_PARTS; i++) {
+                all = sum(all, faultsAt(v, s, i));
+            }
+            return all;
+        }
+
+        private long faultsAt(int v, int s, int index) {
+            int there = pool.at(v, index);
+            if (book.kinds[s] == 'l') {
+                return counted(there, book.firsts[s]);
+            }
+            if (book.kinds[s] != 'o') {
+                return 0;
+            }
+            return labelFault(v, s, index) != ' ' ? 1 : counted(there, book.itemAt(s, index));
+        }
+
+        /** The fault of a label by what is there or not, or a blank. */
+        private char labelFault(int v, int s, int label) {
+            int there = pool.at(v, label);
+            if (there < 0) {
+                return book.mustHave(s, label) ? 'q' : ' ';
+            }
+            return book.itemAt(s, label) < 0 && book.isClosed(s) ? 'x' : ' ';
+        }
+
+        /** Finds the letter and the path of the remembered fault at an index below the count. */
+        void seek(int index) {
+            int v = value;
+            int s = schema;
+            left = index;
+            path = 0;
+            letter = ' ';
+            for (int i = 0; i < MOST_SEEKING && letter == ' ' && v >= 0 && s >= 0; i++) {
+                switch (book.kinds[s]) {
+                    case 'u':
+                    case '&':
+                        s = side(v, s);
+                        break;
+                    case 'r':
+                        letter = book.target(s) < 0 ? '0' : ' ';
+                        s = book.target(s);
+                        break;
+                    case '0':
+                    case '!':
+                        letter = book.kinds[s];
+                        break;
+                    default:
+                        int place = enter(v, s);
+                        v = pool.at(v, place);
+                        s = book.kinds[s] == 'l' ? book.firsts[s] : book.itemAt(s, place);
+                        break;
+                }
+            }
+        }
+
+        private int side(int v, int s) {
+            long first = counted(v, book.firsts[s]);
+            if (book.kinds[s] == 'u') {
+                return first <= counted(v, book.seconds[s]) ? book.firsts[s] : book.seconds[s];
+            }
+            if (left < first) {
+                return book.firsts[s];
+            }
+            left -= first;
+            return book.seconds[s];
+        }
+
+        /** Takes a value's own fault, or goes on to the part that has the fault; returns its place. */
+        private int enter(int v, int s) {
+            char own = ownFault(v, s);
+            if (own != ' ') {
+                if (left == 0) {
+                    letter = own;
+                    return NONE;
+                }
+                left--;
+            }
+            for (int i = 0; i < MOST_PARTS; i++) {
+                long here = faultsAt(v, s, i);
+                if (left < here) {
+                    path = 10 * path + (book.kinds[s] == 'l' ? 5 : 1) + i;
+                    letter = book.kinds[s] == 'o' ? labelFault(v, s, i) : ' ';
+                    return i;
+                }
+                left -= here;
+            }
+            return NONE;
+        }
+    }
+
+    /** What matters for one question about two schemas: the schemas that they are made of, as bits. */
+    private static final class Cone {
+        private final Schemas book;
+        private final int[] joins = new int[MOST_SCHEMAS];
+        private final int[] tellers = new int[MOST_SCHEMAS * LABELS];
+        private final int[] tellings = new int[LABELS];
+        private final long[] untold = new long[LABELS];
+        private final long[] lacking = new long[LABELS];
+        private final long[] alive = new long[MOST_PARTS + 1];
+        private final long[] fitting = new long[MOST_PARTS + 1];
+        private int joinCount;
+        private long around;
+        private long always;
+        private long items;
+        long lists;
+        long records;
+
+        Cone(Schemas book) {
+            this.book = book;
+        }
+
+        void prepare(int schema, int other) {
+            gather(schema, other);
+            joinCount = 0;
+            always = 0;
+            items = 0;
+            lists = 0;
+            records = 0;
+            for (int i = 0; i < book.count; i++) {
+                int s = book.order[i];
+                if (holds(around, s)) {
+                    sort(s);
+                }
+            }
+            for (int length = 0; length <= MOST_PARTS; length++) {
+                sortLength(length);
+            }
+            for (int label = 0; label < LABELS; label++) {
+                sortLabel(label);
+            }
+        }
+
+        static boolean holds(long bits, int schema) {
+            return schema >= 0 && (bits >> schema & 1) == 1;
+        }
+
+        private void gather(int schema, int other) {
+            around = 1L << schema | (other < 0 ? 0 : 1L << other);
+            long before = 0;
+            for (int pass = 0; pass < MOST_SCHEMAS && around != before; pass++) {
+                before = around;
+                for (int s = book.count - 1; s >= 0; s--) {
+                    if (holds(around, s)) {
+                        around |= book.joined(s) | book.nested(s);
+                    }
+                }
+            }
+        }
+
+        private void sort(int s) {
+            items |= book.nested(s);
+            switch (book.kinds[s]) {
+                case 'a':
+                    always |= 1L << s;
+                    break;
+                case 'l':
+                    lists |= 1L << s;
+                    break;
+                case 'o':
+                    records |= 1L << s;
+                    break;
+                case 'u':
+                case '&':
+                case '!':
+                case 'r':
+                    joins[joinCount] = s;
+                    joinCount++;
+                    break;
+                default:
+                    break;
+            }
+        }
+
+        private void sortLength(int length) {
+            alive[length] = 0;
+            fitting[length] = 0;
+            for (int s = 0; s < book.count; s++) {
+                if (holds(lists, s) && book.thirds[s] >= length) {
+                    alive[length] |= 1L << s;
+                    fitting[length] |= book.seconds[s] <= length ? 1L << s : 0;
+                }
+            }
+        }
+
+        private void sortLabel(int label) {
+            tellings[label] = 0;
+            untold[label] = 0;
+            lacking[label] = 0;
+            for (int s = 0; s < book.count; s++) {
+                if (holds(records, s)) {
+                    if (book.itemAt(s, label) >= 0) {
+                        tellers[label * MOST_SCHEMAS + tellings[label]] = s;
+                        tellings[label]++;
+                    } else if (!book.isClosed(s)) {
+                        untold[label] |= 1L << s;
+                    }
+                    lacking[label] |= book.mustHave(s, label) ? 0 : 1L << s;
+                }
+            }
+        }
+
+        /** The bits of the schemas that a leaf is of. */
+        long ofLeaf(char kind, int number) {
+            long bits = 0;
+            for (int s = 0; s < book.count; s++) {
+                if (holds(around, s) && book.kinds[s] == kind && takesNumber(s, number)) {
+                    bits |= 1L << s;
+                }
+            }
+            return bits;
+        }
+
+        private boolean takesNumber(int s, int number) {
+            switch (book.kinds[s]) {
+                case 'n':
+                    return number >= book.firsts[s] && number <= book.seconds[s];
+                case 's':
+                    return (book.firsts[s] >> number & 1) == 1;
+                default:
+                    return true;
+            }
+        }
+
+        /** Whether numbers from here on can be of other schemas than those ahead of it. */
+        boolean isBreak(int number) {
+            if (number == -99) {
+                return true;
+            }
+            for (int s = 0; s < book.count; s++) {
+                if (holds(around, s) && book.kinds[s] == 'n'
+                        && (book.firsts[s] == number || book.seconds[s] == number - 1)) {
+                    return true;
+                }
+            }
+            return false;
+        }
+
+        /** All schemas that a value is of, from those of its own kind. */
+        long joinedUp(long own) {
+            long bits = own | always;
+            for (int i = 0; i < joinCount; i++) {
+                int s = joins[i];
+                int a = book.kinds[s] == 'r' ? book.target(s) : book.firsts[s];
+                boolean one = holds(bits, a);
+                boolean is = one;
+                if (book.kinds[s] == 'u') {
+                    is = one || holds(bits, book.seconds[s]);
+                } else if (book.kinds[s] == '&') {
+                    is = one && holds(bits, book.seconds[s]);
+                } else if (book.kinds[s] == '!') {
+                    is = !one;
+                }
+                bits |= is ? 1L << s : 0;
+            }
+            return bits;
+        }
+
+        /** What others can see of a value that is a part of them. */
+        long seen(long bits) {
+            return bits & items;
+        }
+
+        /** The list schemas that let a value be a part. */
+        long asPart(long bits) {
+            long those = 0;
+            for (int s = 0; s < book.count; s++) {
+                if (holds(lists, s) && holds(bits, book.firsts[s])) {
+                    those |= 1L << s;
+                }
+            }
+            return those;
+        }
+
+        /** The list schemas that can still take a list of this length or a longer one. */
+        long open(int length) {
+            return length < 0 || length > MOST_PARTS ? 0 : alive[length];
+        }
+
+        /** The list schemas that take lists of this length. */
+        long taking(int length) {
+            return length < 0 || length > MOST_PARTS ? 0 : fitting[length];
+        }
+
+        /** The record schemas that let a value be at a label. */
+        long atLabel(long bits, int label) {
+            long those = untold[label];
+            for (int i = 0; i < tellings[label]; i++) {
+                int s = tellers[label * MOST_SCHEMAS + i];
+                if (holds(bits, book.itemAt(s, label))) {
+                    those |= 1L << s;
+                }
+            }
+            return those;
+        }
+
+        /** The record schemas that let a label be without a value. */
+        long withoutLabel(int label) {
+            return lacking[label];
+        }
+    }
+
+    /** Rows of bits, each once, with the smallest size found for it. */
+    private static final class Table {
+        private static final int LEAST_ROOM = 32;
+        private static final int MOST_ROOM = 1 << 17;
+
+        long[] keys = new long[LEAST_ROOM];
+        int[] sizes = new int[LEAST_ROOM];
+        private int[] homes = new int[LEAST_ROOM];
+        private int[] slots = new int[2 * LEAST_ROOM];
+        int count;
+
+        void clear() {
+            for (int i = 0; i < count; i++) {
+                slots[homes[i]] = 0;
+            }
+            count = 0;
+        }
+
+        /** Puts a row in, or makes its size smaller; returns whether that changed something. */
+        boolean lower(long key, int size) {
+            int slot = slotOf(key);
+            if (slots[slot] > 0) {
+                int at = slots[slot] - 1;
+                if (sizes[at] <= size) {
+                    return false;
+                }
+                sizes[at] = size;
+                return true;
+            }
+            if (count >= keys.length) {
+                if (count >= MOST_ROOM) {
+                    return false;
+                }
+                grow();
+                slot = slotOf(key);
+            }
+            insert(slot, key, size);
+            return true;
+        }
+
+        private void insert(int slot, long key, int size) {
+            keys[count] = key;
+            sizes[count] = size;
+            homes[count] = slot;
+            count++;
+            slots[slot] = count;
+        }
+
+        private int slotOf(long key) {
+            long mixed = key * 0x9E3779B97F4A7C15L;
+            int mask = slots.length - 1;
+            int slot = (int) (mixed >>> 32) & mask;
+            for (int i = 0; i < slots.length && slots[slot] > 0 && keys[slots[slot] - 1] != key; i++) {
+                slot = (slot + 1) & mask;
+            }
+            return slot;
+        }
+
+        private void grow() {
+            keys = Arrays.copyOf(keys, 2 * count);
+            sizes = Arrays.copyOf(sizes, 2 * count);
+            homes = Arrays.copyOf(homes, 2 * count);
+            slots = new int[4 * count];
+            for (int i = 0; i < count; i++) {
+                int slot = slotOf(keys[i]);
+                homes[i] = slot;
+                slots[slot] = i + 1;
+            }
+        }
+    }
+
+    /**
+     * Finds the smallest value of one schema that is not of another one. Values that the schemas can't
+     * tell apart are one: all kinds of values that there are get built up from the leaves, with the
+     * smallest size of each, until nothing new comes.
+     */
+    private static final class Search {
+        private static final int MOST_ROUNDS = 1000000;
+        private static final int UNKNOWN = -1;
+        private static final int NOTHING = Integer.MAX_VALUE;
+
+        private final Schemas book;
+        private final Cone cone;
+        private final Table types = new Table();
+        private final Table parts = new Table();
+        private final Table madeRecords = new Table();
+        private final Table one = new Table();
+        private final Table two = new Table();
+        private final Table[] fields = {new Table(), new Table(), new Table(), new Table()};
+        private final int[] answers = new int[MOST_SCHEMAS * (MOST_SCHEMAS + 1)];
+        private int answersEdition = UNKNOWN;
+        private int wanted;
+        private int unwanted;
+        private int best;
+        private boolean changed;
+
+        Search(Schemas book) {
+            this.book = book;
+            cone = new Cone(book);
+        }
+
+        /** The size of the smallest value of a schema and not of another one (-1: of any); 0 if there is none. */
+        int smallest(int schema, int other) {
+            if (!book.has(schema) || schema == other) {
+                return 0;
+            }
+            if (answersEdition != book.edition) {
+                Arrays.fill(answers, UNKNOWN);
+                answersEdition = book.edition;
+            }
+            int place = schema * (MOST_SCHEMAS + 1) + other + 1;
+            if (answers[place] == UNKNOWN) {
+                wanted = schema;
+                unwanted = other;
+                find();
+                answers[place] = best == NOTHING ? 0 : best;
+            }
+            return answers[place];
+        }
+
+        private void find() {
+            cone.prepare(wanted, unwanted);
+            clear();
+            addLeaves();
+            changed = true;
+            for (int round = 0; round < MOST_ROUNDS && changed; round++) {
+                changed = false;
+                addLists();
+                addRecords();
+            }
+        }
+
+        private void clear() {
+            best = NOTHING;
+            types.clear();
+            parts.clear();
+            madeRecords.clear();
+            for (int label = 0; label < LABELS; label++) {
+                fields[label].clear();
+                fields[label].lower(cone.withoutLabel(label), 0);
+            }
+        }
+
+        private void addLeaves() {
+            add(cone.ofLeaf('z', 0), 1);
+            add(cone.ofLeaf('b', 0), 1);
+            for (int number = -99; number <= 99; number++) {
+                if (cone.isBreak(number)) {
+                    add(cone.ofLeaf('n', number), 1);
+                }
+            }
+            for (int symbol = 0; symbol <= 9; symbol++) {
+                add(cone.ofLeaf('s', symbol), 1);
+            }
+        }
+
+        private void add(long own, int size) {
+            if (size >= best) {
+                return;
+            }
+            long bits = cone.joinedUp(own);
+            if (Cone.holds(bits, wanted) && !Cone.holds(bits, unwanted)) {
+                best = size;
+                return;
+            }
+            if (types.lower(cone.seen(bits), size)) {
+                changed = true;
+                parts.lower(cone.asPart(bits), size);
+                for (int label = 0; label < LABELS; label++) {
+                    fields[label].lower(cone.atLabel(bits, label), size);
+                }
+            }
+        }
+
+        private void addLists() {
+            Table shorter = one;
+            Table longer = two;
+            shorter.clear();
+            shorter.lower(cone.open(0), 0);
+            add(cone.taking(0), 1);
+            for (int length = 1; length <= MOST_PARTS && cone.open(length) != 0; length++) {
+                multiply(shorter, parts, longer, cone.open(length));
+                for (int i = 0; i < longer.count; i++) {
+                    add(longer.keys[i] & cone.taking(length), above(longer.sizes[i]));
+                }
+                Table free = shorter;
+                shorter = longer;
+                longer = free;
+            }
+        }
+
+        private void addRecords() {
+            multiply(fields[0], fields[1], one, cone.records);
+            multiply(one, fields[2], two, cone.records);
+            int last = fields[3].count;
+            for (int i = 0; i < two.count; i++) {
+                for (int k = 0; k < last; k++) {
+                    long key = two.keys[i] & fields[3].keys[k];
+                    int size = above(two.sizes[i] + fields[3].sizes[k]);
+                    if (size < best && madeRecords.lower(key, size)) {
+                        add(key, size);
+                    }
+                }
+            }
+        }
+
+        private static int above(int size) {
+            return Math.min(size + 1, MOST_SIZE);
+        }
+
+        private void multiply(Table left, Table right, Table into, long mask) {
+            into.clear();
+            for (int i = 0; i < left.count; i++) {
+                for (int k = 0; k < right.count; k++) {
+                    int size = Math.min(left.sizes[i] + right.sizes[k], MOST_SIZE);
+                    if (size < best) {
+                        into.lower(left.keys[i] & right.keys[k] & mask, size);
+                    }
+                }
+            }
+        }
+    }
+
+    /** The steps by which a record is seen. */
+    private static final class Lens {
+        private final Values pool;
+        private final char[] kinds = new char[MOST_STEPS];
+        private final int[] firsts = new int[MOST_STEPS];
+        private final int[] seconds = new int[MOST_STEPS];
+        private final int[] trail = new int[MOST_STEPS + 1];
+        private final int[] alone = {NONE, NONE, NONE, NONE};
+        int count;
+
+        Lens(Values pool) {
+            this.pool = pool;
+        }
+
+        /** Whether there is such a step, its label a being one. */
+        static boolean takes(char kind, int a, int b) {
+            switch (kind) {
+                case 'r':
+                case 'n':
+                    return isLabel(b) && a != b;
+                case 's':
+                    return b >= 0 && b <= 9;
+                case 'a':
+                case 'd':
+                case 'w':
+                    return true;
+                default:
+                    return false;
+            }
+        }
+
+        /** The number of steps with this one, or -1 if there is no room. */
+        int add(char kind, int a, int b) {
+            if (count >= MOST_STEPS) {
+                return NONE;
+            }
+            kinds[count] = kind;
+            firsts[count] = a;
+            seconds[count] = b;
+            count++;
+            return count;
+        }
+
+        /** The view, or -1 if a step does not fit. */
+        int viewOf(int record) {
+            trail[0] = pool.isRecord(record) ? record : NONE;
+            for (int i = 0; i < count; i++) {
+                trail[i + 1] = pool.isRecord(trail[i]) ? done(i, trail[i]) : NONE;
+            }
+            return trail[count];
+        }
+
+        /** The record that has this view, or -1 if a step does not fit. */
+        int putBack(int record, int view) {
+            if (viewOf(record) < 0 || !pool.isRecord(view)) {
+                return NONE;
+            }
+            int now = view;
+            for (int i = count - 1; i >= 0; i--) {
+                now = pool.isRecord(now) ? undone(i, now) : NONE;
+            }
+            return now;
+        }
+
+        private int done(int step, int record) {
+            int a = firsts[step];
+            int b = seconds[step];
+            int there = pool.at(record, a);
+            switch (kinds[step]) {
+                case 'r':
+                    return renamed(record, a, b);
+                case 'd':
+                    return pool.labelled(record, a, NONE);
+                case 'a':
+                    return there >= 0 ? NONE : pool.labelled(record, a, b);
+                case 'n':
+                    return putIn(record, a, b);
+                case 'w':
+                    return there < 0 ? record : pool.labelled(record, a, listOf(there));
+                default:
+                    return swapped(record, a, b);
+            }
+        }
+
+        private int undone(int step, int record) {
+            int a = firsts[step];
+            int b = seconds[step];
+            int there = pool.at(record, a);
+            switch (kinds[step]) {
+                case 'r':
+                    return renamed(record, b, a);
+                case 'd':
+                    return there >= 0 ? NONE : pool.labelled(record, a, pool.at(trail[step], a));
+                case 'a':
+                    return there == b ? pool.labelled(record, a, NONE) : NONE;
+                case 'n':
+                    return takenOut(record, a, b);
+                case 'w':
+                    return there < 0 ? record : unlisted(record, a, there);
+                default:
+                    return swapped(record, a, b);
+            }
+        }
+
+        private int renamed(int record, int from, int to) {
+            if (pool.at(record, to) >= 0) {
+                return NONE;
+            }
+            int there = pool.at(record, from);
+            return there < 0 ? record : pool.labelled(pool.labelled(record, from, NONE), to, there);
+        }
+
+        private int putIn(int record, int a, int b) {
+            int inner = pool.at(record, b);
+            if (!pool.isRecord(inner) || pool.at(inner, a) >= 0) {
+                return NONE;
+            }
+            int there = pool.at(record, a);
+            if (there < 0) {
+                return record;
+            }
+            int fuller = pool.labelled(inner, a, there);
+            return fuller < 0 ? NONE : pool.labelled(pool.labelled(record, a, NONE), b, fuller);
+        }
+
+        private int takenOut(int record, int a, int b) {
+            int inner = pool.at(record, b);
+            if (!pool.isRecord(inner) || pool.at(record, a) >= 0) {
+                return NONE;
+            }
+            int there = pool.at(inner, a);
+            if (there < 0) {
+                return record;
+            }
+            int emptier = pool.labelled(inner, a, NONE);
+            return pool.labelled(pool.labelled(record, b, emptier), a, there);
+        }
+
+        /** A list of one part, or -1 if that is too deep. */
+        private int listOf(int part) {
+            alone[0] = part;
+            return pool.draft('l', 1, alone, 0);
+        }
+
+        private int unlisted(int record, int label, int there) {
+            boolean fits = pool.isList(there) && pool.numbers[there] == 1;
+            return fits ? pool.labelled(record, label, pool.at(there, 0)) : NONE;
+        }
+
+        private int swapped(int record, int label, int symbol) {
+            int there = pool.at(record, label);
+            if (there < 0 || pool.kinds[there] != 's') {
+                return record;
+            }
+            int before = pool.numbers[there];
+            if (before != symbol && before != 9 - symbol) {
+                return record;
+            }
+            alone[0] = NONE;
+            return pool.labelled(record, label, pool.draft('s', 9 - before, alone, 0));
+        }
+    }
+
+    /** Merges two values that came from a first one. */
+    private static final class Merger {
+        private final Values pool;
+        private final int[] rows = new int[(MOST_DEPTH + 1) * MOST_PARTS];
+        int clashes;
+
+        Merger(Values pool) {
+            this.pool = pool;
+        }
+
+        int merged(int first, int one, int other) {
+            clashes = 0;
+            return mergedAt(first, one, other, 0);
+        }
+
+        /** What is merged, where -1 is nothing there. */
+        private int mergedAt(int first, int one, int other, int depth) {
+            if (one == other || first == other) {
+                return one;
+            }
+            if (first == one) {
+                return other;
+            }
+            boolean records = pool.isRecord(first) && pool.isRecord(one) && pool.isRecord(other);
+            if (depth > MOST_DEPTH || !(records || areListsOfOneLength(first, one, other))) {
+                clashes++;
+                return one;
+            }
+            int from = depth * MOST_PARTS;
+            for (int i = 0; i < MOST_PARTS; i++) {
+                rows[from + i] = mergedAt(pool.at(first, i), pool.at(one, i), pool.at(other, i), depth + 1);
+            }
+            char kind = records ? 'o' : 'l';
+            return pool.draft(kind, records ? Values.labelBits(rows, from) : pool.numbers[first], rows, from);
+        }
+
+        private boolean areListsOfOneLength(int first, int one, int other) {
+            return pool.isList(first) && pool.isList(one) && pool.isList(other)
+                    && pool.numbers[first] == pool.numbers[one] && pool.numbers[first] == pool.numbers[other];
+        }
+    }
+
+    /** Finds a schema from samples. */
+    private static final class Finder {
+        private static final int LEVELS = MOST_DEPTH + 2;
+        private static final int KINDS = 6;
+
+        private final Values pool;
+        private final Schemas book;
+        private final int[] marks = new int[LEVELS * MOST_VALUES];
+        private final int[] items = new int[LEVELS * LABELS];
+        private final int[] found = new int[LEVELS * KINDS];
+
+        Finder(Values pool, Schemas book) {
+            this.pool = pool;
+            this.book = book;
+        }
+
+        /** The schema for the samples, or -1, and nothing made, if there would be too many. */
+        int found(int[] samples, int count) {
+            int before = book.count;
+            Arrays.fill(marks, 0, MOST_VALUES, 0);
+            for (int i = 0; i < count && i < samples.length; i++) {
+                mark(0, samples[i]);
+            }
+            int made = foundAt(0);
+            if (made < 0) {
+                book.cut(before);
+            }
+            return made;
+        }
+
+        private void mark(int level, int value) {
+            if (level >= 0 && level < LEVELS && pool.has(value)) {
+                marks[level * MOST_VALUES + value] = 1;
+            }
+        }
+
+        private boolean isMarked(int level, int value, char kind) {
+            return marks[level * MOST_VALUES + value] == 1 && pool.kinds[value] == kind;
+        }
+
+        private void clearLevel(int level) {
+            Arrays.fill(marks, level * MOST_VALUES, (level + 1) * MOST_VALUES, 0);
+        }
+
+        private int foundAt(int level) {
+            if (level + 1 >= LEVELS) {
+                return NONE;
+            }
+            int made = 0;
+            for (int i = 0; i < KINDS; i++) {
+                char kind = kindAt(i);
+                if (howMany(level, kind) > 0) {
+                    int schema = foundFor(level, kind);
+                    if (schema < 0) {
+                        return NONE;
+                    }
+                    found[level * KINDS + made] = schema;
+                    made++;
+                }
+            }
+            return made == 0 ? book.add('0', 0, 0, 0) : joinedUp(level, made);
+        }
+
+        private static char kindAt(int index) {
+            switch (index) {
+                case 0:
+                    return 'z';
+                case 1:
+                    return 'b';
+                case 2:
+                    return 'n';
+                case 3:
+                    return 's';
+                case 4:
+                    return 'l';
+                default:
+                    return 'o';
+            }
+        }
+
+        private int howMany(int level, char kind) {
+            int those = 0;
+            for (int v = 0; v < pool.count; v++) {
+                those += isMarked(level, v, kind) ? 1 : 0;
+            }
+            return those;
+        }
+
+        private int joinedUp(int level, int made) {
+            int all = found[level * KINDS];
+            for (int i = 1; i < made && all >= 0; i++) {
+                all = book.add('u', all, found[level * KINDS + i], 0);
+            }
+            return all;
+        }
+
+        private int foundFor(int level, char kind) {
+            switch (kind) {
+                case 'n':
+                    return book.add('n', lowest(level, kind), greatest(level, kind), 0);
+                case 's':
+                    return book.add('s', symbolBits(level), 0, 0);
+                case 'l':
+                    return listSchema(level);
+                case 'o':
+                    return recordSchema(level);
+                default:
+                    return book.add(kind, 0, 0, 0);
+            }
+        }
+
+        private int lowest(int level, char kind) {
+            int least = Integer.MAX_VALUE;
+            for (int v = 0; v < pool.count; v++) {
+                least = isMarked(level, v, kind) ? Math.min(least, pool.numbers[v]) : least;
+            }
+            return least;
+        }
+
+        private int greatest(int level, char kind) {
+            int greatest = Integer.MIN_VALUE;
+            for (int v = 0; v < pool.count; v++) {
+                greatest = isMarked(level, v, kind) ? Math.max(greatest, pool.numbers[v]) : greatest;
+            }
+            return greatest;
+        }
+
+        private int symbolBits(int level) {
+            int bits = 0;
+            for (int v = 0; v < pool.count; v++) {
+                bits |= isMarked(level, v, 's') ? 1 << pool.numbers[v] : 0;
+            }
+            return bits;
+        }
+
+        private int listSchema(int level) {
+            clearLevel(level + 1);
+            for (int v = 0; v < pool.count; v++) {
+                for (int i = 0; i < MOST_PARTS && isMarked(level, v, 'l'); i++) {
+                    mark(level + 1, pool.at(v, i));
+                }
+            }
+            int least = lowest(level, 'l');
+            int greatest = greatest(level, 'l');
+            int item = foundAt(level + 1);
+            return item < 0 ? NONE : book.add('l', item, least, greatest);
+        }
+
+        private int recordSchema(int level) {
+            int all = howMany(level, 'o');
+            int musts = 0;
+            for (int label = 0; label < LABELS; label++) {
+                int there = markAt(level, label);
+                int item = there == 0 ? NONE : foundAt(level + 1);
+                if (there > 0 && item < 0) {
+                    return NONE;
+                }
+                items[level * LABELS + label] = item;
+                musts |= there == all ? 1 << label : 0;
+            }
+            int made = book.add('o', 1, 0, 0);
+            for (int label = 0; label < LABELS && made >= 0; label++) {
+                int item = items[level * LABELS + label];
+                if (item >= 0) {
+                    book.tell(made, label, item, (musts >> label & 1) == 1);
+                }
+            }
+            return made;
+        }
+
+        /** Marks what is at a label of the marked records, a level below; returns how many have it. */
+        private int markAt(int level, int label) {
+            clearLevel(level + 1);
+            int there = 0;
+            for (int v = 0; v < pool.count; v++) {
+                if (isMarked(level, v, 'o') && pool.at(v, label) >= 0) {
+                    mark(level + 1, pool.at(v, label));
+                    there++;
+                }
+            }
+            return there;
+        }
+    }
+}
