@@ -837,6 +837,18 @@ public final class Formwarden {
             }
         }
 
+        /** Whether the numbers or symbols of a leaf's schema have this one. */
+        boolean takesNumber(int schema, int number) {
+            switch (kinds[schema]) {
+                case 'n':
+                    return number >= firsts[schema] && number <= seconds[schema];
+                case 's':
+                    return number >= 0 && number <= 9 && (firsts[schema] >> number & 1) == 1;
+                default:
+                    return true;
+            }
+        }
+
         /** Takes back all schemas from this number on. */
         void cut(int number) {
             if (number >= 0 && number < count) {
@@ -929,22 +941,14 @@ public final class Formwarden {
 
         private boolean isMemberByParts(int value, int schema) {
             int number = pool.numbers[value];
-            int a = book.firsts[schema];
             switch (book.kinds[schema]) {
-                case 'z':
-                case 'b':
-                    return true;
-                case 'n':
-                    return number >= a && number <= book.seconds[schema];
-                case 's':
-                    return (a >> number & 1) == 1;
                 case 'l':
                     return number >= book.seconds[schema] && number <= book.thirds[schema]
-                            && haveAll(value, number, a);
+                            && haveAll(value, number, book.firsts[schema]);
                 case 'o':
                     return isFieldwise(value, schema);
                 default:
-                    return false;
+                    return book.takesNumber(schema, number);
             }
         }
 
@@ -1172,34 +1176,49 @@ public final class Formwarden {
         }
     }
 
-    /** What matters for one question about two schemas: the schemas that they are made of, as bits. */
+    /** What matters for one question about two schemas: the schemas that they are made of. */
     private static final class Cone {
         private final Schemas book;
         private final int[] joins = new int[MOST_SCHEMAS];
-        private final int[] tellers = new int[MOST_SCHEMAS * LABELS];
-        private final int[] tellings = new int[LABELS];
+        private final int[] leaves = new int[MOST_SCHEMAS];
+        private final int[] lists = new int[MOST_SCHEMAS];
+        private final int[] records = new int[MOST_SCHEMAS];
         private final long[] untold = new long[LABELS];
         private final long[] lacking = new long[LABELS];
         private final long[] alive = new long[MOST_PARTS + 1];
         private final long[] fitting = new long[MOST_PARTS + 1];
         private int joinCount;
+        private int leafCount;
+        private int listCount;
+        private int recordCount;
         private long around;
         private long always;
         private long items;
-        long lists;
-        long records;
+        /** The schemas of which it helps to be, and those of which it helps not to be, for an answer. */
+        long rising;
+        long falling;
 
         Cone(Schemas book) {
             this.book = book;
         }
 
+        static boolean holds(long bits, int schema) {
+            return schema >= 0 && (bits >> schema & 1) == 1;
+        }
+
+        static long bit(int schema) {
+            return schema < 0 ? 0 : 1L << schema;
+        }
+
+        /** Gathers what tells whether a value is of the schema and not of the other one, or -1. */
         void prepare(int schema, int other) {
             gather(schema, other);
             joinCount = 0;
+            leafCount = 0;
+            listCount = 0;
+            recordCount = 0;
             always = 0;
             items = 0;
-            lists = 0;
-            records = 0;
             for (int i = 0; i < book.count; i++) {
                 int s = book.order[i];
                 if (holds(around, s)) {
@@ -1214,20 +1233,34 @@ public final class Formwarden {
             }
         }
 
-        static boolean holds(long bits, int schema) {
-            return schema >= 0 && (bits >> schema & 1) == 1;
+        private void gather(int schema, int other) {
+            rising = bit(schema);
+            falling = bit(other);
+            boolean grown = true;
+            for (int pass = 0; pass <= 2 * MOST_SCHEMAS && grown; pass++) {
+                long before = rising;
+                long beforeFalling = falling;
+                for (int s = book.count - 1; s >= 0; s--) {
+                    spread(s);
+                }
+                grown = rising != before || falling != beforeFalling;
+            }
+            around = rising | falling;
         }
 
-        private void gather(int schema, int other) {
-            around = 1L << schema | (other < 0 ? 0 : 1L << other);
-            long before = 0;
-            for (int pass = 0; pass < MOST_SCHEMAS && around != before; pass++) {
-                before = around;
-                for (int s = book.count - 1; s >= 0; s--) {
-                    if (holds(around, s)) {
-                        around |= book.joined(s) | book.nested(s);
-                    }
-                }
+        private void spread(int s) {
+            if (!holds(rising | falling, s)) {
+                return;
+            }
+            long below = book.joined(s) | book.nested(s);
+            boolean turns = book.kinds[s] == '!';
+            if (holds(rising, s)) {
+                rising |= turns ? 0 : below;
+                falling |= turns ? below : 0;
+            }
+            if (holds(falling, s)) {
+                falling |= turns ? 0 : below;
+                rising |= turns ? below : 0;
             }
         }
 
@@ -1235,13 +1268,15 @@ public final class Formwarden {
             items |= book.nested(s);
             switch (book.kinds[s]) {
                 case 'a':
-                    always |= 1L << s;
+                    always |= bit(s);
                     break;
                 case 'l':
-                    lists |= 1L << s;
+                    lists[listCount] = s;
+                    listCount++;
                     break;
                 case 'o':
-                    records |= 1L << s;
+                    records[recordCount] = s;
+                    recordCount++;
                     break;
                 case 'u':
                 case '&':
@@ -1251,6 +1286,8 @@ public final class Formwarden {
                     joinCount++;
                     break;
                 default:
+                    leaves[leafCount] = s;
+                    leafCount++;
                     break;
             }
         }
@@ -1258,65 +1295,52 @@ public final class Formwarden {
         private void sortLength(int length) {
             alive[length] = 0;
             fitting[length] = 0;
-            for (int s = 0; s < book.count; s++) {
-                if (holds(lists, s) && book.thirds[s] >= length) {
-                    alive[length] |= 1L << s;
-                    fitting[length] |= book.seconds[s] <= length ? 1L << s : 0;
+            for (int i = 0; i < listCount; i++) {
+                int s = lists[i];
+                if (book.thirds[s] >= length) {
+                    alive[length] |= bit(s);
+                    fitting[length] |= book.seconds[s] <= length ? bit(s) : 0;
                 }
             }
         }
 
         private void sortLabel(int label) {
-            tellings[label] = 0;
             untold[label] = 0;
             lacking[label] = 0;
-            for (int s = 0; s < book.count; s++) {
-                if (holds(records, s)) {
-                    if (book.itemAt(s, label) >= 0) {
-                        tellers[label * MOST_SCHEMAS + tellings[label]] = s;
-                        tellings[label]++;
-                    } else if (!book.isClosed(s)) {
-                        untold[label] |= 1L << s;
-                    }
-                    lacking[label] |= book.mustHave(s, label) ? 0 : 1L << s;
-                }
+            for (int i = 0; i < recordCount; i++) {
+                int s = records[i];
+                boolean open = book.itemAt(s, label) < 0 && !book.isClosed(s);
+                untold[label] |= open ? bit(s) : 0;
+                lacking[label] |= book.mustHave(s, label) ? 0 : bit(s);
             }
         }
 
-        /** The bits of the schemas that a leaf is of. */
+        /** The schemas of its own kind that a leaf is of. */
         long ofLeaf(char kind, int number) {
             long bits = 0;
-            for (int s = 0; s < book.count; s++) {
-                if (holds(around, s) && book.kinds[s] == kind && takesNumber(s, number)) {
-                    bits |= 1L << s;
+            for (int i = 0; i < leafCount; i++) {
+                int s = leaves[i];
+                if (book.kinds[s] == kind && book.takesNumber(s, number)) {
+                    bits |= bit(s);
                 }
             }
             return bits;
         }
 
-        private boolean takesNumber(int s, int number) {
-            switch (book.kinds[s]) {
-                case 'n':
-                    return number >= book.firsts[s] && number <= book.seconds[s];
-                case 's':
-                    return (book.firsts[s] >> number & 1) == 1;
-                default:
-                    return true;
-            }
+        int breaks() {
+            return 2 * leafCount + 1;
         }
 
-        /** Whether numbers from here on can be of other schemas than those ahead of it. */
-        boolean isBreak(int number) {
-            if (number == -99) {
-                return true;
+        /** Numbers between two breaks are of the same schemas, so the breaks stand for all. */
+        int breakAt(int index) {
+            if (index <= 0 || index > 2 * leafCount) {
+                return -99;
             }
-            for (int s = 0; s < book.count; s++) {
-                if (holds(around, s) && book.kinds[s] == 'n'
-                        && (book.firsts[s] == number || book.seconds[s] == number - 1)) {
-                    return true;
-                }
+            int s = leaves[(index - 1) / 2];
+            if (book.kinds[s] != 'n') {
+                return -99;
             }
-            return false;
+            return index % 2 == 0 ? book.firsts[s] : Math.min(book.seconds[s] + 1, 99);
         }
 
         /** All schemas that a value is of, from those of its own kind. */
@@ -1324,55 +1348,41 @@ public final class Formwarden {
             long bits = own | always;
             for (int i = 0; i < joinCount; i++) {
                 int s = joins[i];
-                int a = book.kinds[s] == 'r' ? book.target(s) : book.firsts[s];
-                boolean one = holds(bits, a);
+                char kind = book.kinds[s];
+                boolean one = holds(bits, kind == 'r' ? book.target(s) : book.firsts[s]);
                 boolean is = one;
-                if (book.kinds[s] == 'u') {
+                if (kind == 'u') {
                     is = one || holds(bits, book.seconds[s]);
-                } else if (book.kinds[s] == '&') {
+                } else if (kind == '&') {
                     is = one && holds(bits, book.seconds[s]);
-                } else if (book.kinds[s] == '!') {
+                } else if (kind == '!') {
                     is = !one;
                 }
-                bits |= is ? 1L << s : 0;
+                bits |= is ? bit(s) : 0;
             }
             return bits;
         }
 
         /** What others can see of a value that is a part of them. */
-        long seen(long bits) {
+        long asItem(long bits) {
             return bits & items;
         }
 
         /** The list schemas that let a value be a part. */
         long asPart(long bits) {
             long those = 0;
-            for (int s = 0; s < book.count; s++) {
-                if (holds(lists, s) && holds(bits, book.firsts[s])) {
-                    those |= 1L << s;
-                }
+            for (int i = 0; i < listCount; i++) {
+                those |= holds(bits, book.firsts[lists[i]]) ? bit(lists[i]) : 0;
             }
             return those;
-        }
-
-        /** The list schemas that can still take a list of this length or a longer one. */
-        long open(int length) {
-            return length < 0 || length > MOST_PARTS ? 0 : alive[length];
-        }
-
-        /** The list schemas that take lists of this length. */
-        long taking(int length) {
-            return length < 0 || length > MOST_PARTS ? 0 : fitting[length];
         }
 
         /** The record schemas that let a value be at a label. */
         long atLabel(long bits, int label) {
             long those = untold[label];
-            for (int i = 0; i < tellings[label]; i++) {
-                int s = tellers[label * MOST_SCHEMAS + i];
-                if (holds(bits, book.itemAt(s, label))) {
-                    those |= 1L << s;
-                }
+            for (int i = 0; i < recordCount; i++) {
+                int s = records[i];
+                those |= holds(bits, book.itemAt(s, label)) ? bit(s) : 0;
             }
             return those;
         }
@@ -1381,18 +1391,38 @@ public final class Formwarden {
         long withoutLabel(int label) {
             return lacking[label];
         }
+
+        /** The list schemas that take a list of this length or a longer one. */
+        long reaching(int length) {
+            return alive[length];
+        }
+
+        /** The list schemas that take lists of this length. */
+        long taking(int length) {
+            return fitting[length];
+        }
     }
 
     /** Rows of bits, each once, with the smallest size found for it. */
     private static final class Table {
         private static final int LEAST_ROOM = 32;
-        private static final int MOST_ROOM = 1 << 17;
+        private static final int MOST_ROOM = 1 << 16;
+        private static final int LOOKS = 32;
 
         long[] keys = new long[LEAST_ROOM];
         int[] sizes = new int[LEAST_ROOM];
         private int[] homes = new int[LEAST_ROOM];
         private int[] slots = new int[2 * LEAST_ROOM];
+        private long more;
+        private long fewer;
         int count;
+
+        /** Empties the table for bits of which it helps to have, and not to have, these. */
+        void start(long rising, long falling) {
+            more = rising;
+            fewer = falling;
+            clear();
+        }
 
         void clear() {
             for (int i = 0; i < count; i++) {
@@ -1401,7 +1431,7 @@ public final class Formwarden {
             count = 0;
         }
 
-        /** Puts a row in, or makes its size smaller; returns whether that changed something. */
+        /** Puts a row in, or makes its size smaller, if no other one serves as well; returns whether it did. */
         boolean lower(long key, int size) {
             int slot = slotOf(key);
             if (slots[slot] > 0) {
@@ -1412,15 +1442,34 @@ public final class Formwarden {
                 sizes[at] = size;
                 return true;
             }
-            if (count >= keys.length) {
-                if (count >= MOST_ROOM) {
-                    return false;
-                }
-                grow();
-                slot = slotOf(key);
+            if (isOutdone(key, size) || !hasRoom()) {
+                return false;
             }
-            insert(slot, key, size);
+            insert(slotOf(key), key, size);
             return true;
+        }
+
+        /** Looks at a few rows only: leaving a row in that others outdo costs time and nothing else. */
+        private boolean isOutdone(long key, int size) {
+            if (more == fewer) {
+                return false;
+            }
+            int looks = Math.min(count, LOOKS);
+            for (int i = 0; i < looks; i++) {
+                long missing = key & ~keys[i] & more;
+                long excess = keys[i] & ~key & fewer;
+                if ((missing | excess) == 0 && sizes[i] <= size) {
+                    return true;
+                }
+            }
+            return false;
+        }
+
+        private boolean hasRoom() {
+            if (count >= keys.length && count < MOST_ROOM) {
+                grow();
+            }
+            return count < keys.length;
         }
 
         private void insert(int slot, long key, int size) {
@@ -1431,6 +1480,7 @@ public final class Formwarden {
             slots[slot] = count;
         }
 
+        /** The slot that a key has or would get; there are always free ones. */
         private int slotOf(long key) {
             long mixed = key * 0x9E3779B97F4A7C15L;
             int mask = slots.length - 1;
@@ -1456,8 +1506,8 @@ public final class Formwarden {
 
     /**
      * Finds the smallest value of one schema that is not of another one. Values that the schemas can't
-     * tell apart are one: all kinds of values that there are get built up from the leaves, with the
-     * smallest size of each, until nothing new comes.
+     * tell apart count as one: all kinds of values that there are get built up from the leaves, with
+     * the smallest size of each, until nothing new comes.
      */
     private static final class Search {
         private static final int MOST_ROUNDS = 1000000;
@@ -1466,9 +1516,9 @@ public final class Formwarden {
 
         private final Schemas book;
         private final Cone cone;
-        private final Table types = new Table();
+        private final Table items = new Table();
         private final Table parts = new Table();
-        private final Table madeRecords = new Table();
+        private final Table records = new Table();
         private final Table one = new Table();
         private final Table two = new Table();
         private final Table[] fields = {new Table(), new Table(), new Table(), new Table()};
@@ -1505,7 +1555,7 @@ public final class Formwarden {
 
         private void find() {
             cone.prepare(wanted, unwanted);
-            clear();
+            start();
             addLeaves();
             changed = true;
             for (int round = 0; round < MOST_ROUNDS && changed; round++) {
@@ -1515,13 +1565,15 @@ public final class Formwarden {
             }
         }
 
-        private void clear() {
+        private void start() {
             best = NOTHING;
-            types.clear();
-            parts.clear();
-            madeRecords.clear();
+            items.start(cone.rising, cone.falling);
+            parts.start(cone.rising, cone.falling);
+            records.start(cone.rising, cone.falling);
+            one.start(cone.rising, cone.falling);
+            two.start(cone.rising, cone.falling);
             for (int label = 0; label < LABELS; label++) {
-                fields[label].clear();
+                fields[label].start(cone.rising, cone.falling);
                 fields[label].lower(cone.withoutLabel(label), 0);
             }
         }
@@ -1529,16 +1581,15 @@ public final class Formwarden {
         private void addLeaves() {
             add(cone.ofLeaf('z', 0), 1);
             add(cone.ofLeaf('b', 0), 1);
-            for (int number = -99; number <= 99; number++) {
-                if (cone.isBreak(number)) {
-                    add(cone.ofLeaf('n', number), 1);
-                }
-            }
             for (int symbol = 0; symbol <= 9; symbol++) {
                 add(cone.ofLeaf('s', symbol), 1);
             }
+            for (int i = 0; i < cone.breaks(); i++) {
+                add(cone.ofLeaf('n', cone.breakAt(i)), 1);
+            }
         }
 
+        /** Takes in a value by the schemas of its own kind; what is no smaller than an answer is left out. */
         private void add(long own, int size) {
             if (size >= best) {
                 return;
@@ -1548,7 +1599,7 @@ public final class Formwarden {
                 best = size;
                 return;
             }
-            if (types.lower(cone.seen(bits), size)) {
+            if (items.lower(cone.asItem(bits), size)) {
                 changed = true;
                 parts.lower(cone.asPart(bits), size);
                 for (int label = 0; label < LABELS; label++) {
@@ -1561,10 +1612,11 @@ public final class Formwarden {
             Table shorter = one;
             Table longer = two;
             shorter.clear();
-            shorter.lower(cone.open(0), 0);
+            shorter.lower(cone.reaching(0), 0);
             add(cone.taking(0), 1);
-            for (int length = 1; length <= MOST_PARTS && cone.open(length) != 0; length++) {
-                multiply(shorter, parts, longer, cone.open(length));
+            // A length that no schema reaches still counts once: its lists are of none of them.
+            for (int length = 1; length <= MOST_PARTS && cone.reaching(length - 1) != 0; length++) {
+                multiply(shorter, parts, longer, cone.reaching(length));
                 for (int i = 0; i < longer.count; i++) {
                     add(longer.keys[i] & cone.taking(length), above(longer.sizes[i]));
                 }
@@ -1575,14 +1627,14 @@ public final class Formwarden {
         }
 
         private void addRecords() {
-            multiply(fields[0], fields[1], one, cone.records);
-            multiply(one, fields[2], two, cone.records);
+            multiply(fields[0], fields[1], one, ~0L);
+            multiply(one, fields[2], two, ~0L);
             int last = fields[3].count;
             for (int i = 0; i < two.count; i++) {
                 for (int k = 0; k < last; k++) {
                     long key = two.keys[i] & fields[3].keys[k];
                     int size = above(two.sizes[i] + fields[3].sizes[k]);
-                    if (size < best && madeRecords.lower(key, size)) {
+                    if (size < best && records.lower(key, size)) {
                         add(key, size);
                     }
                 }
@@ -1593,12 +1645,13 @@ public final class Formwarden {
             return Math.min(size + 1, MOST_SIZE);
         }
 
+        /** What two tables have together, row by row, as far as it can be part of a smaller answer. */
         private void multiply(Table left, Table right, Table into, long mask) {
             into.clear();
             for (int i = 0; i < left.count; i++) {
                 for (int k = 0; k < right.count; k++) {
                     int size = Math.min(left.sizes[i] + right.sizes[k], MOST_SIZE);
-                    if (size < best) {
+                    if (above(size) < best) {
                         into.lower(left.keys[i] & right.keys[k] & mask, size);
                     }
                 }
