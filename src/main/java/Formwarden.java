@@ -195,11 +195,11 @@ public final class Formwarden {
         }
         toldBook.become(book);
         told.remember(value, schema);
-        return told.rememberedCount();
+        return told.remembered;
     }
 
     public char faultAt(int index) throws IndexOutOfBoundsException {
-        if (index < 0 || index >= told.rememberedCount()) {
+        if (index < 0 || index >= told.remembered) {
             throw new IndexOutOfBoundsException("no such fault");
         }
         told.seek(index);
@@ -207,7 +207,7 @@ public final class Formwarden {
     }
 
     public int pathAt(int index) throws IndexOutOfBoundsException {
-        if (index < 0 || index >= told.rememberedCount()) {
+        if (index < 0 || index >= told.remembered) {
             throw new IndexOutOfBoundsException("no such fault");
         }
         told.seek(index);
@@ -296,7 +296,7 @@ public final class Formwarden {
             throw new IndexOutOfBoundsException("no such value");
         }
         pool.dropDrafts();
-        int made = lens.putBack(record, view);
+        int made = lens.viewOf(record) < 0 ? NONE : lens.putBack(view);
         if (made < 0) {
             throw new UnsupportedOperationException("one is no record, a step does not fit, or it is too deep");
         }
@@ -404,27 +404,23 @@ public final class Formwarden {
         if (!book.has(schema) || !book.has(other)) {
             throw new IndexOutOfBoundsException("no such schema");
         }
-        return bearsOut(schema, other) && bearsOut(other, schema) && agrees(schema) && agrees(other);
-    }
-
-    private boolean bearsOut(int schema, int other) {
-        int found = search.smallest(schema, other);
+        int there = search.smallest(schema, other);
+        int back = search.smallest(other, schema);
         for (int v = 0; v < pool.count; v++) {
-            if (members.belongs(v, schema) && !members.belongs(v, other)
-                    && (found == 0 || found > pool.sizes[v])) {
+            if (!bearsOut(v, schema, other, there) || !bearsOut(v, other, schema, back)) {
                 return false;
             }
         }
         return true;
     }
 
-    private boolean agrees(int schema) {
-        for (int v = 0; v < pool.count; v++) {
-            if (members.belongs(v, schema) != (lacks.howMany(v, schema) == 0)) {
-                return false;
-            }
+    /** Whether a value is as told of a schema and of its gap to another one, 0 if it is within. */
+    private boolean bearsOut(int value, int schema, int other, int gapSize) {
+        boolean belongs = members.belongs(value, schema);
+        if (belongs != (lacks.howMany(value, schema) == 0)) {
+            return false;
         }
-        return true;
+        return !belongs || members.belongs(value, other) || (gapSize > 0 && gapSize <= pool.sizes[value]);
     }
 
     private boolean isPart(int value) {
@@ -493,7 +489,7 @@ public final class Formwarden {
         }
 
         private boolean stands(int value) {
-            return has(value) || (value >= MOST_VALUES && value < MOST_VALUES + drafts);
+            return value >= 0 && (value < count || (value >= MOST_VALUES && value < MOST_VALUES + drafts));
         }
 
         boolean isRecord(int value) {
@@ -506,7 +502,7 @@ public final class Formwarden {
 
         /** The part at a place or label, or -1. */
         int at(int value, int index) {
-            if (!stands(value) || index < 0 || index >= MOST_PARTS) {
+            if (value < 0 || value >= ROOM || index < 0 || index >= MOST_PARTS) {
                 return NONE;
             }
             return parts[value * MOST_PARTS + index];
@@ -556,29 +552,16 @@ public final class Formwarden {
         }
 
         private int findSame(char kind, int number, int[] row, int from) {
-            for (int v = 0; v < count; v++) {
-                if (isSame(v, kind, number, row, from)) {
-                    return v;
-                }
-            }
-            for (int v = MOST_VALUES; v < MOST_VALUES + drafts; v++) {
-                if (isSame(v, kind, number, row, from)) {
+            for (int v = 0; v < MOST_VALUES + drafts; v++) {
+                int place = v * MOST_PARTS;
+                boolean kept = v < count || v >= MOST_VALUES;
+                if (kept && kinds[v] == kind && numbers[v] == number
+                        && parts[place] == row[from] && parts[place + 1] == row[from + 1]
+                        && parts[place + 2] == row[from + 2] && parts[place + 3] == row[from + 3]) {
                     return v;
                 }
             }
             return NONE;
-        }
-
-        private boolean isSame(int value, char kind, int number, int[] row, int from) {
-            if (kinds[value] != kind || numbers[value] != number) {
-                return false;
-            }
-            for (int i = 0; i < MOST_PARTS; i++) {
-                if (parts[value * MOST_PARTS + i] != row[from + i]) {
-                    return false;
-                }
-            }
-            return true;
         }
 
         /** What the record becomes with a value, or -1 for none, at a label; -1 if that is too deep. */
@@ -743,23 +726,24 @@ public final class Formwarden {
 
         /** The schema told for a label, or -1. */
         int itemAt(int schema, int label) {
-            if (!has(schema) || label < 0 || label >= LABELS) {
+            if (schema < 0 || schema >= count || label < 0 || label >= LABELS) {
                 return NONE;
             }
             return items[schema * LABELS + label];
         }
 
         boolean mustHave(int schema, int label) {
-            return itemAt(schema, label) >= 0 && musts[schema * LABELS + label] == 1;
+            return schema >= 0 && schema < count && label >= 0 && label < LABELS
+                    && musts[schema * LABELS + label] == 1;
         }
 
         boolean isClosed(int schema) {
-            return has(schema) && firsts[schema] == 1;
+            return schema >= 0 && schema < count && firsts[schema] == 1;
         }
 
         /** The schema to which the name of an 'r' is bound, or -1. */
         int target(int schema) {
-            if (!has(schema) || firsts[schema] < 0 || firsts[schema] >= NAMES) {
+            if (schema < 0 || schema >= count || firsts[schema] < 0 || firsts[schema] >= NAMES) {
                 return NONE;
             }
             return bound[firsts[schema]];
@@ -888,7 +872,7 @@ public final class Formwarden {
                 return false;
             }
             work(value, 1);
-            return (bits[value] >> schema & 1) == 1;
+            return hasBit(value, schema);
         }
 
         private void work(int value, int depth) {
@@ -918,20 +902,23 @@ public final class Formwarden {
         private boolean isMember(int value, int schema) {
             char kind = book.kinds[schema];
             int a = book.firsts[schema];
-            int b = book.seconds[schema];
             switch (kind) {
                 case 'a':
                     return true;
                 case 'u':
-                    return hasBit(value, a) || hasBit(value, b);
+                    return hasBit(value, a) || hasBit(value, book.seconds[schema]);
                 case '&':
-                    return hasBit(value, a) && hasBit(value, b);
+                    return hasBit(value, a) && hasBit(value, book.seconds[schema]);
                 case '!':
                     return !hasBit(value, a);
                 case 'r':
                     return hasBit(value, book.target(schema));
+                case 'l':
+                    return pool.kinds[value] == kind && isListOf(value, schema);
+                case 'o':
+                    return pool.kinds[value] == kind && isRecordOf(value, schema);
                 default:
-                    return kind == pool.kinds[value] && isMemberByParts(value, schema);
+                    return pool.kinds[value] == kind && book.takesNumber(schema, pool.numbers[value]);
             }
         }
 
@@ -939,29 +926,20 @@ public final class Formwarden {
             return value >= 0 && schema >= 0 && (bits[value] >> schema & 1) == 1;
         }
 
-        private boolean isMemberByParts(int value, int schema) {
-            int number = pool.numbers[value];
-            switch (book.kinds[schema]) {
-                case 'l':
-                    return number >= book.seconds[schema] && number <= book.thirds[schema]
-                            && haveAll(value, number, book.firsts[schema]);
-                case 'o':
-                    return isFieldwise(value, schema);
-                default:
-                    return book.takesNumber(schema, number);
+        private boolean isListOf(int value, int schema) {
+            int length = pool.numbers[value];
+            if (length < book.seconds[schema] || length > book.thirds[schema]) {
+                return false;
             }
-        }
-
-        private boolean haveAll(int value, int length, int item) {
             for (int i = 0; i < length; i++) {
-                if (!hasBit(pool.at(value, i), item)) {
+                if (!hasBit(pool.at(value, i), book.firsts[schema])) {
                     return false;
                 }
             }
             return true;
         }
 
-        private boolean isFieldwise(int value, int schema) {
+        private boolean isRecordOf(int value, int schema) {
             for (int label = 0; label < LABELS; label++) {
                 int item = book.itemAt(schema, label);
                 int there = pool.at(value, label);
@@ -990,6 +968,7 @@ public final class Formwarden {
         private int value = NONE;
         private int schema = NONE;
         private long left;
+        int remembered;
         char letter;
         int path;
 
@@ -999,12 +978,10 @@ public final class Formwarden {
         }
 
         void remember(int ofValue, int ofSchema) {
+            work(ofValue, 1);
             value = ofValue;
             schema = ofSchema;
-        }
-
-        int rememberedCount() {
-            return value < 0 ? 0 : (int) Math.min(howMany(value, schema), Integer.MAX_VALUE);
+            remembered = (int) Math.min(counted(ofValue, ofSchema), Integer.MAX_VALUE);
         }
 
         long howMany(int ofValue, int ofSchema) {
@@ -1012,7 +989,7 @@ public final class Formwarden {
                 return 0;
             }
             work(ofValue, 1);
-            return counts[ofValue * MOST_SCHEMAS + ofSchema];
+            return counted(ofValue, ofSchema);
         }
 
         private void work(int v, int depth) {
@@ -1055,9 +1032,14 @@ public final class Formwarden {
                 case 'r':
                     return book.target(s) < 0 ? 1 : counted(v, book.target(s));
                 default:
-                    char own = ownFault(v, s);
-                    return own == 'k' ? 1 : sum(own == ' ' ? 0 : 1, partFaults(v, s));
+                    break;
             }
+            char own = ownFault(v, s);
+            long all = own == ' ' ? 0 : 1;
+            for (int i = 0; i < MOST_PARTS && own != 'k'; i++) {
+                all = sum(all, faultsAt(v, s, i));
+            }
+            return all;
         }
 
         private static long sum(long one, long other) {
@@ -1081,14 +1063,6 @@ public final class Formwarden {
                 default:
                     return ' ';
             }
-        }
-
-        private long partFaults(int v, int s) {
-            long all = 0;
-            for (int i = 0; i < MOST_PARTS; i++) {
-                all = sum(all, faultsAt(v, s, i));
-            }
-            return all;
         }
 
         private long faultsAt(int v, int s, int index) {
@@ -1241,27 +1215,16 @@ public final class Formwarden {
                 long before = rising;
                 long beforeFalling = falling;
                 for (int s = book.count - 1; s >= 0; s--) {
-                    spread(s);
+                    boolean turns = book.kinds[s] == '!';
+                    long below = holds(rising | falling, s) ? book.joined(s) | book.nested(s) : 0;
+                    boolean rises = holds(rising, s);
+                    boolean falls = holds(falling, s);
+                    rising |= (turns ? falls : rises) ? below : 0;
+                    falling |= (turns ? rises : falls) ? below : 0;
                 }
                 grown = rising != before || falling != beforeFalling;
             }
             around = rising | falling;
-        }
-
-        private void spread(int s) {
-            if (!holds(rising | falling, s)) {
-                return;
-            }
-            long below = book.joined(s) | book.nested(s);
-            boolean turns = book.kinds[s] == '!';
-            if (holds(rising, s)) {
-                rising |= turns ? 0 : below;
-                falling |= turns ? below : 0;
-            }
-            if (holds(falling, s)) {
-                falling |= turns ? 0 : below;
-                rising |= turns ? below : 0;
-            }
         }
 
         private void sort(int s) {
@@ -1442,10 +1405,14 @@ public final class Formwarden {
                 sizes[at] = size;
                 return true;
             }
-            if (isOutdone(key, size) || !hasRoom()) {
+            if (isOutdone(key, size) || count >= MOST_ROOM) {
                 return false;
             }
-            insert(slotOf(key), key, size);
+            if (count >= keys.length) {
+                grow();
+                slot = slotOf(key);
+            }
+            insert(slot, key, size);
             return true;
         }
 
@@ -1463,13 +1430,6 @@ public final class Formwarden {
                 }
             }
             return false;
-        }
-
-        private boolean hasRoom() {
-            if (count >= keys.length && count < MOST_ROOM) {
-                grow();
-            }
-            return count < keys.length;
         }
 
         private void insert(int slot, long key, int size) {
@@ -1545,28 +1505,24 @@ public final class Formwarden {
             }
             int place = schema * (MOST_SCHEMAS + 1) + other + 1;
             if (answers[place] == UNKNOWN) {
-                wanted = schema;
-                unwanted = other;
-                find();
+                start(schema, other);
+                addLeaves();
+                for (int round = 0; round < MOST_ROUNDS && changed; round++) {
+                    changed = false;
+                    addLists();
+                    addRecords();
+                }
                 answers[place] = best == NOTHING ? 0 : best;
             }
             return answers[place];
         }
 
-        private void find() {
-            cone.prepare(wanted, unwanted);
-            start();
-            addLeaves();
-            changed = true;
-            for (int round = 0; round < MOST_ROUNDS && changed; round++) {
-                changed = false;
-                addLists();
-                addRecords();
-            }
-        }
-
-        private void start() {
+        private void start(int schema, int other) {
+            cone.prepare(schema, other);
+            wanted = schema;
+            unwanted = other;
             best = NOTHING;
+            changed = true;
             items.start(cone.rising, cone.falling);
             parts.start(cone.rising, cone.falling);
             records.start(cone.rising, cone.falling);
@@ -1711,16 +1667,13 @@ public final class Formwarden {
             return trail[count];
         }
 
-        /** The record that has this view, or -1 if a step does not fit. */
-        int putBack(int record, int view) {
-            if (viewOf(record) < 0 || !pool.isRecord(view)) {
-                return NONE;
-            }
+        /** The record that has this view, or -1 if a step does not fit, after a view was got from the old one. */
+        int putBack(int view) {
             int now = view;
             for (int i = count - 1; i >= 0; i--) {
                 now = pool.isRecord(now) ? undone(i, now) : NONE;
             }
-            return now;
+            return pool.isRecord(now) ? now : NONE;
         }
 
         private int done(int step, int record) {
