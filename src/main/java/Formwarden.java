@@ -40,11 +40,7 @@ public final class Formwarden {
         }
         clearRow();
         pool.dropDrafts();
-        int kept = pool.keep(pool.draft(kind, kind == 'z' ? 0 : number, row, 0));
-        if (kept < 0) {
-            throw new IllegalStateException("there are 200 values");
-        }
-        return kept;
+        return kept(pool.draft(kind, kind == 'z' ? 0 : number, row, 0));
     }
 
     public int list(int first, int second, int third, int fourth)
@@ -66,21 +62,13 @@ public final class Formwarden {
         if (made < 0) {
             throw new UnsupportedOperationException("the list would be too deep");
         }
-        int kept = pool.keep(made);
-        if (kept < 0) {
-            throw new IllegalStateException("there are 200 values");
-        }
-        return kept;
+        return kept(made);
     }
 
     public int record() throws IllegalStateException {
         clearRow();
         pool.dropDrafts();
-        int kept = pool.keep(pool.draft('o', 0, row, 0));
-        if (kept < 0) {
-            throw new IllegalStateException("there are 200 values");
-        }
-        return kept;
+        return kept(pool.draft('o', 0, row, 0));
     }
 
     public int with(int record, int label, int value)
@@ -97,11 +85,7 @@ public final class Formwarden {
         if (made < 0) {
             throw new UnsupportedOperationException("the record would be too deep");
         }
-        int kept = pool.keep(made);
-        if (kept < 0) {
-            throw new IllegalStateException("there are 200 values");
-        }
-        return kept;
+        return kept(made);
     }
 
     public int values() {
@@ -109,23 +93,17 @@ public final class Formwarden {
     }
 
     public char kindOf(int value) throws IndexOutOfBoundsException {
-        if (!pool.has(value)) {
-            throw new IndexOutOfBoundsException("no such value");
-        }
+        needValue(value);
         return pool.kinds[value];
     }
 
     public int numberOf(int value) throws IndexOutOfBoundsException {
-        if (!pool.has(value)) {
-            throw new IndexOutOfBoundsException("no such value");
-        }
+        needValue(value);
         return pool.numbers[value];
     }
 
     public int part(int value, int index) throws IndexOutOfBoundsException, NoSuchElementException {
-        if (!pool.has(value)) {
-            throw new IndexOutOfBoundsException("no such value");
-        }
+        needValue(value);
         int found = pool.at(value, index);
         if (found < 0) {
             throw new NoSuchElementException("it has no such part");
@@ -134,9 +112,7 @@ public final class Formwarden {
     }
 
     public int size(int value) throws IndexOutOfBoundsException {
-        if (!pool.has(value)) {
-            throw new IndexOutOfBoundsException("no such value");
-        }
+        needValue(value);
         return pool.sizes[value];
     }
 
@@ -183,55 +159,43 @@ public final class Formwarden {
     }
 
     public boolean isOf(int value, int schema) throws IndexOutOfBoundsException {
-        if (!pool.has(value) || !book.has(schema)) {
-            throw new IndexOutOfBoundsException("no such value or schema");
-        }
+        needValue(value);
+        needSchema(schema);
         return members.belongs(value, schema);
     }
 
     public int faults(int value, int schema) throws IndexOutOfBoundsException {
-        if (!pool.has(value) || !book.has(schema)) {
-            throw new IndexOutOfBoundsException("no such value or schema");
-        }
+        needValue(value);
+        needSchema(schema);
         toldBook.become(book);
         told.remember(value, schema);
         return told.remembered;
     }
 
     public char faultAt(int index) throws IndexOutOfBoundsException {
-        if (index < 0 || index >= told.remembered) {
-            throw new IndexOutOfBoundsException("no such fault");
-        }
-        told.seek(index);
+        seekFault(index);
         return told.letter;
     }
 
     public int pathAt(int index) throws IndexOutOfBoundsException {
-        if (index < 0 || index >= told.remembered) {
-            throw new IndexOutOfBoundsException("no such fault");
-        }
-        told.seek(index);
+        seekFault(index);
         return told.path;
     }
 
     public boolean isEmpty(int schema) throws IndexOutOfBoundsException {
-        if (!book.has(schema)) {
-            throw new IndexOutOfBoundsException("no such schema");
-        }
+        needSchema(schema);
         return search.smallest(schema, NONE) == 0;
     }
 
     public boolean isWithin(int schema, int other) throws IndexOutOfBoundsException {
-        if (!book.has(schema) || !book.has(other)) {
-            throw new IndexOutOfBoundsException("no such schema");
-        }
+        needSchema(schema);
+        needSchema(other);
         return search.smallest(schema, other) == 0;
     }
 
     public int gap(int schema, int other) throws IndexOutOfBoundsException, NoSuchElementException {
-        if (!book.has(schema) || !book.has(other)) {
-            throw new IndexOutOfBoundsException("no such schema");
-        }
+        needSchema(schema);
+        needSchema(other);
         int found = search.smallest(schema, other);
         if (found == 0) {
             throw new NoSuchElementException("the schema is within the other one");
@@ -240,9 +204,7 @@ public final class Formwarden {
     }
 
     public int least(int schema) throws IndexOutOfBoundsException, NoSuchElementException {
-        if (!book.has(schema)) {
-            throw new IndexOutOfBoundsException("no such schema");
-        }
+        needSchema(schema);
         int found = search.smallest(schema, NONE);
         if (found == 0) {
             throw new NoSuchElementException("the schema has no values");
@@ -257,8 +219,8 @@ public final class Formwarden {
         if (!isLabel(a) || !Lens.takes(kind, a, b)) {
             throw new IllegalArgumentException("no such kind, label or symbol, or both labels are the same");
         }
-        if (kind == 'a' && !pool.has(b)) {
-            throw new IndexOutOfBoundsException("no such value");
+        if (kind == 'a') {
+            needValue(b);
         }
         int steps = lens.add(kind, a, b);
         if (steps < 0) {
@@ -275,47 +237,33 @@ public final class Formwarden {
 
     public int get(int record)
             throws IndexOutOfBoundsException, UnsupportedOperationException, IllegalStateException {
-        if (!pool.has(record)) {
-            throw new IndexOutOfBoundsException("no such value");
-        }
+        needValue(record);
         pool.dropDrafts();
         int made = lens.viewOf(record);
         if (made < 0) {
             throw new UnsupportedOperationException("it is no record, a step does not fit, or it is too deep");
         }
-        int kept = pool.keep(made);
-        if (kept < 0) {
-            throw new IllegalStateException("there are 200 values");
-        }
-        return kept;
+        return kept(made);
     }
 
     public int put(int record, int view)
             throws IndexOutOfBoundsException, UnsupportedOperationException, IllegalStateException {
-        if (!pool.has(record) || !pool.has(view)) {
-            throw new IndexOutOfBoundsException("no such value");
-        }
+        needValue(record);
+        needValue(view);
         pool.dropDrafts();
         int made = lens.viewOf(record) < 0 ? NONE : lens.putBack(view);
         if (made < 0) {
             throw new UnsupportedOperationException("one is no record, a step does not fit, or it is too deep");
         }
-        int kept = pool.keep(made);
-        if (kept < 0) {
-            throw new IllegalStateException("there are 200 values");
-        }
-        return kept;
+        return kept(made);
     }
 
     public int merge(int first, int one, int other) throws IndexOutOfBoundsException, IllegalStateException {
-        if (!pool.has(first) || !pool.has(one) || !pool.has(other)) {
-            throw new IndexOutOfBoundsException("no such value");
-        }
+        needValue(first);
+        needValue(one);
+        needValue(other);
         pool.dropDrafts();
-        int kept = pool.keep(merger.merged(first, one, other));
-        if (kept < 0) {
-            throw new IllegalStateException("there are 200 values");
-        }
+        int kept = kept(merger.merged(first, one, other));
         clashes = merger.clashes;
         return kept;
     }
@@ -325,9 +273,7 @@ public final class Formwarden {
     }
 
     public int sample(int value) throws IndexOutOfBoundsException, IllegalStateException {
-        if (!pool.has(value)) {
-            throw new IndexOutOfBoundsException("no such value");
-        }
+        needValue(value);
         if (sampleCount >= MOST_SAMPLES) {
             throw new IllegalStateException("there are 8 samples");
         }
@@ -351,9 +297,7 @@ public final class Formwarden {
     }
 
     public boolean fits(int schema) throws IndexOutOfBoundsException {
-        if (!book.has(schema)) {
-            throw new IndexOutOfBoundsException("no such schema");
-        }
+        needSchema(schema);
         for (int i = 0; i < sampleCount; i++) {
             if (!members.belongs(samples[i], schema)) {
                 return false;
@@ -363,9 +307,7 @@ public final class Formwarden {
     }
 
     public long gaps(int schema) throws IndexOutOfBoundsException {
-        if (!book.has(schema)) {
-            throw new IndexOutOfBoundsException("no such schema");
-        }
+        needSchema(schema);
         long sum = 0;
         for (int other = 0; other < book.count; other++) {
             sum += search.smallest(schema, other);
@@ -374,9 +316,7 @@ public final class Formwarden {
     }
 
     public float share(int schema) throws IndexOutOfBoundsException, ArithmeticException {
-        if (!book.has(schema)) {
-            throw new IndexOutOfBoundsException("no such schema");
-        }
+        needSchema(schema);
         if (pool.count == 0) {
             throw new ArithmeticException("there are no values");
         }
@@ -401,9 +341,8 @@ public final class Formwarden {
     }
 
     public boolean isBorneOut(int schema, int other) throws IndexOutOfBoundsException {
-        if (!book.has(schema) || !book.has(other)) {
-            throw new IndexOutOfBoundsException("no such schema");
-        }
+        needSchema(schema);
+        needSchema(other);
         int there = search.smallest(schema, other);
         int back = search.smallest(other, schema);
         for (int v = 0; v < pool.count; v++) {
@@ -421,6 +360,34 @@ public final class Formwarden {
             return false;
         }
         return !belongs || members.belongs(value, other) || (gapSize > 0 && gapSize <= pool.sizes[value]);
+    }
+
+    private void needValue(int value) {
+        if (!pool.has(value)) {
+            throw new IndexOutOfBoundsException("no such value");
+        }
+    }
+
+    private void needSchema(int schema) {
+        if (!book.has(schema)) {
+            throw new IndexOutOfBoundsException("no such schema");
+        }
+    }
+
+    private void seekFault(int index) {
+        if (index < 0 || index >= told.remembered) {
+            throw new IndexOutOfBoundsException("no such fault");
+        }
+        told.seek(index);
+    }
+
+    /** Keeps what was made; nothing is made if there is no room. */
+    private int kept(int made) {
+        int kept = pool.keep(made);
+        if (kept < 0) {
+            throw new IllegalStateException("there are 200 values");
+        }
+        return kept;
     }
 
     private boolean isPart(int value) {
