@@ -607,6 +607,11 @@ public final class Formwarden {
         int count;
         /** Grows when a schema comes to mean something else, so that what was worked out can be thrown away. */
         int edition;
+        /** The schemas that are seen to have no values, and all values, from how they are written alone. */
+        long never;
+        long always;
+        private int foldedEdition = NONE;
+        private int foldedCount;
 
         boolean has(int schema) {
             return schema >= 0 && schema < count;
@@ -774,6 +779,85 @@ public final class Formwarden {
             return bits;
         }
 
+        /** Finds the schemas that are always or never met. */
+        void fold() {
+            if (foldedEdition == edition && foldedCount == count) {
+                return;
+            }
+            foldedEdition = edition;
+            foldedCount = count;
+            never = 0;
+            always = 0;
+            boolean grown = true;
+            for (int pass = 0; pass <= MOST_SCHEMAS && grown; pass++) {
+                long before = never | always;
+                for (int s = 0; s < count; s++) {
+                    never |= isNever(s) ? 1L << s : 0;
+                    always |= isAlways(s) ? 1L << s : 0;
+                }
+                grown = (never | always) != before;
+            }
+        }
+
+        private boolean isNever(int s) {
+            int a = firsts[s];
+            switch (kinds[s]) {
+                case '0':
+                    return true;
+                case 's':
+                    return a == 0;
+                case 'l':
+                    return seconds[s] > 0 && isIn(never, a);
+                case 'o':
+                    return mustHaveNever(s);
+                case 'u':
+                    return isIn(never, a) && isIn(never, seconds[s]);
+                case '&':
+                    return isIn(never, a) || isIn(never, seconds[s]) || areOpposed(a, seconds[s]);
+                case '!':
+                    return isIn(always, a);
+                case 'r':
+                    return target(s) < 0 || isIn(never, target(s));
+                default:
+                    return false;
+            }
+        }
+
+        private boolean isAlways(int s) {
+            int a = firsts[s];
+            switch (kinds[s]) {
+                case 'a':
+                    return true;
+                case 'u':
+                    return isIn(always, a) || isIn(always, seconds[s]) || areOpposed(a, seconds[s]);
+                case '&':
+                    return isIn(always, a) && isIn(always, seconds[s]);
+                case '!':
+                    return isIn(never, a);
+                case 'r':
+                    return isIn(always, target(s));
+                default:
+                    return false;
+            }
+        }
+
+        private boolean mustHaveNever(int s) {
+            for (int label = 0; label < LABELS; label++) {
+                if (mustHave(s, label) && isIn(never, itemAt(s, label))) {
+                    return true;
+                }
+            }
+            return false;
+        }
+
+        private boolean areOpposed(int a, int b) {
+            return (kinds[a] == '!' && firsts[a] == b) || (kinds[b] == '!' && firsts[b] == a);
+        }
+
+        private static boolean isIn(long bits, int schema) {
+            return schema >= 0 && (bits >> schema & 1) == 1;
+        }
+
         private void arrange() {
             long placed = 0;
             int next = 0;
@@ -921,15 +1005,19 @@ public final class Formwarden {
 
     /**
      * What values lack. Faults can be more than could be listed, so they are counted for each value
-     * and schema, and the one at an index is sought down along the counts.
+     * and schema, and the one at an index is sought down along the counts. A union asks which of two
+     * counts is smaller, so they are kept in full, in digits of 60 bits: '&' can double a count some
+     * fifty times on each of six levels.
      */
     private static final class Faults {
-        private static final long MANY = 1L << 60;
+        private static final int DIGITS = 6;
+        private static final int DIGIT_BITS = 60;
+        private static final long MANY = 1L << DIGIT_BITS;
         private static final int MOST_SEEKING = 1000;
 
         private final Values pool;
         private final Schemas book;
-        private final long[] counts = new long[MOST_VALUES * MOST_SCHEMAS];
+        private final long[] counts = new long[MOST_VALUES * MOST_SCHEMAS * DIGITS];
         private final int[] editions = new int[MOST_VALUES];
         private final int[] filled = new int[MOST_VALUES];
         private int value = NONE;
@@ -951,6 +1039,7 @@ public final class Formwarden {
             remembered = (int) Math.min(counted(ofValue, ofSchema), Integer.MAX_VALUE);
         }
 
+        /** The number of faults, or a greater one than any that is counted where there are more. */
         long howMany(int ofValue, int ofSchema) {
             if (!pool.has(ofValue) || !book.has(ofSchema)) {
                 return 0;
@@ -974,43 +1063,92 @@ public final class Formwarden {
                 work(pool.at(v, i), depth + 1);
             }
             for (int i = filled[v]; i < book.count; i++) {
-                int s = book.order[i];
-                counts[v * MOST_SCHEMAS + s] = countOf(v, s);
+                count(v, book.order[i]);
             }
             filled[v] = book.count;
         }
 
-        private long counted(int v, int s) {
-            return v < 0 || s < 0 ? 0 : counts[v * MOST_SCHEMAS + s];
-        }
-
-        private long countOf(int v, int s) {
+        private void count(int v, int s) {
+            int first = book.firsts[s];
+            int into = placeOf(v, s);
+            Arrays.fill(counts, into, into + DIGITS, 0);
             switch (book.kinds[s]) {
                 case 'a':
-                    return 0;
+                    break;
                 case '0':
-                    return 1;
+                    raise(into, NONE, 1);
+                    break;
                 case 'u':
-                    return Math.min(counted(v, book.firsts[s]), counted(v, book.seconds[s]));
+                    raise(into, placeOf(v, lesserSide(v, s)), 0);
+                    break;
                 case '&':
-                    return sum(counted(v, book.firsts[s]), counted(v, book.seconds[s]));
+                    raise(into, placeOf(v, first), 0);
+                    raise(into, placeOf(v, book.seconds[s]), 0);
+                    break;
                 case '!':
-                    return counted(v, book.firsts[s]) == 0 ? 1 : 0;
+                    raise(into, NONE, counted(v, first) == 0 ? 1 : 0);
+                    break;
                 case 'r':
-                    return book.target(s) < 0 ? 1 : counted(v, book.target(s));
+                    raise(into, placeOf(v, book.target(s)), book.target(s) < 0 ? 1 : 0);
+                    break;
                 default:
+                    countOwn(v, s, into);
                     break;
             }
-            char own = ownFault(v, s);
-            long all = own == ' ' ? 0 : 1;
-            for (int i = 0; i < MOST_PARTS && own != 'k'; i++) {
-                all = sum(all, faultsAt(v, s, i));
-            }
-            return all;
         }
 
-        private static long sum(long one, long other) {
-            return Math.min(one + other, MANY);
+        /** Counts what a value lacks by its kind, and what its parts lack. */
+        private void countOwn(int v, int s, int into) {
+            char own = ownFault(v, s);
+            raise(into, NONE, own == ' ' ? 0 : 1);
+            for (int i = 0; i < MOST_PARTS && own != 'k'; i++) {
+                if (labelFault(v, s, i) != ' ') {
+                    raise(into, NONE, 1);
+                } else {
+                    raise(into, placeOf(pool.at(v, i), below(s, i)), 0);
+                }
+            }
+        }
+
+        /** Where the count of a value and a schema stands, or -1. */
+        private static int placeOf(int v, int s) {
+            return v < 0 || s < 0 ? NONE : (v * MOST_SCHEMAS + s) * DIGITS;
+        }
+
+        /** Adds a count, if there is one, and a small number to another count. */
+        private void raise(int into, int from, long more) {
+            long carried = more;
+            for (int i = 0; i < DIGITS; i++) {
+                long sum = counts[into + i] + (from < 0 ? 0 : counts[from + i]) + carried;
+                counts[into + i] = sum & (MANY - 1);
+                carried = sum >>> DIGIT_BITS;
+            }
+        }
+
+        /** The count, or a greater number than any digit if it has more than one. */
+        private long counted(int v, int s) {
+            int place = placeOf(v, s);
+            if (place < 0) {
+                return 0;
+            }
+            for (int i = 1; i < DIGITS; i++) {
+                if (counts[place + i] != 0) {
+                    return MANY;
+                }
+            }
+            return counts[place];
+        }
+
+        /** The part of a union of which a value has fewer faults, of as many the first one. */
+        private int lesserSide(int v, int s) {
+            int one = placeOf(v, book.firsts[s]);
+            int other = placeOf(v, book.seconds[s]);
+            for (int i = DIGITS - 1; i >= 0; i--) {
+                if (counts[one + i] != counts[other + i]) {
+                    return counts[one + i] < counts[other + i] ? book.firsts[s] : book.seconds[s];
+                }
+            }
+            return book.firsts[s];
         }
 
         /** The fault of the value by its kind, number or length, or a blank. */
@@ -1033,19 +1171,20 @@ public final class Formwarden {
         }
 
         private long faultsAt(int v, int s, int index) {
-            int there = pool.at(v, index);
-            if (book.kinds[s] == 'l') {
-                return counted(there, book.firsts[s]);
-            }
-            if (book.kinds[s] != 'o') {
-                return 0;
-            }
-            return labelFault(v, s, index) != ' ' ? 1 : counted(there, book.itemAt(s, index));
+            return labelFault(v, s, index) != ' ' ? 1 : counted(pool.at(v, index), below(s, index));
+        }
+
+        /** The schema for the part at a place or label, or -1. */
+        private int below(int s, int index) {
+            return book.kinds[s] == 'l' ? book.firsts[s] : book.itemAt(s, index);
         }
 
         /** The fault of a label by what is there or not, or a blank. */
         private char labelFault(int v, int s, int label) {
             int there = pool.at(v, label);
+            if (book.kinds[s] != 'o') {
+                return ' ';
+            }
             if (there < 0) {
                 return book.mustHave(s, label) ? 'q' : ' ';
             }
@@ -1076,17 +1215,18 @@ public final class Formwarden {
                     default:
                         int place = enter(v, s);
                         v = pool.at(v, place);
-                        s = book.kinds[s] == 'l' ? book.firsts[s] : book.itemAt(s, place);
+                        s = below(s, place);
                         break;
                 }
             }
         }
 
+        /** The part of a join in which the fault is. */
         private int side(int v, int s) {
-            long first = counted(v, book.firsts[s]);
             if (book.kinds[s] == 'u') {
-                return first <= counted(v, book.seconds[s]) ? book.firsts[s] : book.seconds[s];
+                return lesserSide(v, s);
             }
+            long first = counted(v, book.firsts[s]);
             if (left < first) {
                 return book.firsts[s];
             }
@@ -1108,7 +1248,7 @@ public final class Formwarden {
                 long here = faultsAt(v, s, i);
                 if (left < here) {
                     path = 10 * path + (book.kinds[s] == 'l' ? 5 : 1) + i;
-                    letter = book.kinds[s] == 'o' ? labelFault(v, s, i) : ' ';
+                    letter = labelFault(v, s, i);
                     return i;
                 }
                 left -= here;
@@ -1154,15 +1294,26 @@ public final class Formwarden {
         /** Gathers what tells whether a value is of the schema and not of the other one, or -1. */
         void prepare(int schema, int other) {
             gather(schema, other);
+            sortAll();
+        }
+
+        /** Gathers all schemas. */
+        void prepareAll() {
+            book.fold();
+            around = book.count == 0 ? 0 : -1L >>> (64 - book.count);
+            sortAll();
+        }
+
+        private void sortAll() {
             joinCount = 0;
             leafCount = 0;
             listCount = 0;
             recordCount = 0;
-            always = 0;
+            always = book.always;
             items = 0;
             for (int i = 0; i < book.count; i++) {
                 int s = book.order[i];
-                if (holds(around, s)) {
+                if (holds(around & ~(book.always | book.never), s)) {
                     sort(s);
                 }
             }
@@ -1174,16 +1325,19 @@ public final class Formwarden {
             }
         }
 
+        /** What is always or never met needs nothing else, and tells no values apart. */
         private void gather(int schema, int other) {
-            rising = bit(schema);
-            falling = bit(other);
+            book.fold();
+            long open = ~(book.always | book.never);
+            rising = bit(schema) & open;
+            falling = bit(other) & open;
             boolean grown = true;
             for (int pass = 0; pass <= 2 * MOST_SCHEMAS && grown; pass++) {
                 long before = rising;
                 long beforeFalling = falling;
                 for (int s = book.count - 1; s >= 0; s--) {
                     boolean turns = book.kinds[s] == '!';
-                    long below = holds(rising | falling, s) ? book.joined(s) | book.nested(s) : 0;
+                    long below = holds(rising | falling, s) ? (book.joined(s) | book.nested(s)) & open : 0;
                     boolean rises = holds(rising, s);
                     boolean falls = holds(falling, s);
                     rising |= (turns ? falls : rises) ? below : 0;
@@ -1197,9 +1351,6 @@ public final class Formwarden {
         private void sort(int s) {
             items |= book.nested(s);
             switch (book.kinds[s]) {
-                case 'a':
-                    always |= bit(s);
-                    break;
                 case 'l':
                     lists[listCount] = s;
                     listCount++;
