@@ -12,6 +12,7 @@ public final class Formwarden {
     private static final int MOST_SAMPLES = 8;
     private static final int MOST_SIZE = 1000;
     private static final int NAMES = 6;
+    private static final int ALL_PLACES = 15;
     private static final int NONE = -1;
 
     private final Values pool = new Values();
@@ -709,6 +710,29 @@ public final class Formwarden {
                     && musts[schema * LABELS + label] == 1;
         }
 
+        /** The schema for the part at a place of a list or at a label, or -1. */
+        int below(int schema, int index) {
+            return kinds[schema] == 'l' ? firsts[schema] : itemAt(schema, index);
+        }
+
+        /** The places or labels, as bits, at which something must be. */
+        int needed(int schema) {
+            int places = kinds[schema] == 'l' ? (1 << seconds[schema]) - 1 : 0;
+            for (int label = 0; label < LABELS && kinds[schema] == 'o'; label++) {
+                places |= musts[schema * LABELS + label] << label;
+            }
+            return places;
+        }
+
+        /** The places or labels, as bits, at which nothing must be. */
+        int barred(int schema) {
+            int places = kinds[schema] == 'l' ? ALL_PLACES & -(1 << thirds[schema]) : 0;
+            for (int label = 0; label < LABELS && kinds[schema] == 'o'; label++) {
+                places |= firsts[schema] == 1 && items[schema * LABELS + label] < 0 ? 1 << label : 0;
+            }
+            return places;
+        }
+
         boolean isClosed(int schema) {
             return schema >= 0 && schema < count && firsts[schema] == 1;
         }
@@ -1105,7 +1129,7 @@ public final class Formwarden {
                 if (labelFault(v, s, i) != ' ') {
                     raise(into, NONE, 1);
                 } else {
-                    raise(into, placeOf(pool.at(v, i), below(s, i)), 0);
+                    raise(into, placeOf(pool.at(v, i), book.below(s, i)), 0);
                 }
             }
         }
@@ -1171,12 +1195,7 @@ public final class Formwarden {
         }
 
         private long faultsAt(int v, int s, int index) {
-            return labelFault(v, s, index) != ' ' ? 1 : counted(pool.at(v, index), below(s, index));
-        }
-
-        /** The schema for the part at a place or label, or -1. */
-        private int below(int s, int index) {
-            return book.kinds[s] == 'l' ? book.firsts[s] : book.itemAt(s, index);
+            return labelFault(v, s, index) != ' ' ? 1 : counted(pool.at(v, index), book.below(s, index));
         }
 
         /** The fault of a label by what is there or not, or a blank. */
@@ -1215,7 +1234,7 @@ public final class Formwarden {
                     default:
                         int place = enter(v, s);
                         v = pool.at(v, place);
-                        s = below(s, place);
+                        s = book.below(s, place);
                         break;
                 }
             }
@@ -1487,7 +1506,7 @@ public final class Formwarden {
     /** Rows of bits, each once, with the smallest size found for it. */
     private static final class Table {
         private static final int LEAST_ROOM = 32;
-        private static final int MOST_ROOM = 1 << 16;
+        private static final int GROWTH = 8;
         private static final int LOOKS = 32;
 
         long[] keys = new long[LEAST_ROOM];
@@ -1496,12 +1515,17 @@ public final class Formwarden {
         private int[] slots = new int[2 * LEAST_ROOM];
         private long more;
         private long fewer;
+        private int most;
         int count;
+        /** Whether a row found no room. */
+        boolean spilled;
 
-        /** Empties the table for bits of which it helps to have, and not to have, these. */
-        void start(long rising, long falling) {
+        /** Empties the table for so many rows of bits of which it helps to have, and not to have, these. */
+        void start(long rising, long falling, int rows) {
             more = rising;
             fewer = falling;
+            most = rows;
+            spilled = false;
             clear();
         }
 
@@ -1512,7 +1536,10 @@ public final class Formwarden {
             count = 0;
         }
 
-        /** Puts a row in, or makes its size smaller, if no other one serves as well; returns whether it did. */
+        /**
+         * Puts a row in, or makes its size smaller, if no other one serves as well. Returns whether the
+         * row tells something new, which a row without room does, too.
+         */
         boolean lower(long key, int size) {
             int slot = slotOf(key);
             if (slots[slot] > 0) {
@@ -1523,8 +1550,12 @@ public final class Formwarden {
                 sizes[at] = size;
                 return true;
             }
-            if (isOutdone(key, size) || count >= MOST_ROOM) {
+            if (isOutdone(key, size)) {
                 return false;
+            }
+            if (count >= most) {
+                spilled = true;
+                return true;
             }
             if (count >= keys.length) {
                 grow();
@@ -1569,11 +1600,13 @@ public final class Formwarden {
             return slot;
         }
 
+        /** Grows by much, for the arrays that are left behind count as well. */
         private void grow() {
-            keys = Arrays.copyOf(keys, 2 * count);
-            sizes = Arrays.copyOf(sizes, 2 * count);
-            homes = Arrays.copyOf(homes, 2 * count);
-            slots = new int[4 * count];
+            int room = GROWTH * keys.length;
+            keys = Arrays.copyOf(keys, room);
+            sizes = Arrays.copyOf(sizes, room);
+            homes = Arrays.copyOf(homes, room);
+            slots = new int[2 * room];
             for (int i = 0; i < count; i++) {
                 int slot = slotOf(keys[i]);
                 homes[i] = slot;
@@ -1583,17 +1616,625 @@ public final class Formwarden {
     }
 
     /**
-     * Finds the smallest value of one schema that is not of another one. Values that the schemas can't
-     * tell apart count as one: all kinds of values that there are get built up from the leaves, with
-     * the smallest size of each, until nothing new comes.
+     * What values must be of and must not be of, each pair once, with the smallest size found for it, and
+     * which of them have to be looked into: the newest first, and those that hang on others that were not
+     * yet settled once more, as long as a size gets smaller.
      */
-    private static final class Search {
-        private static final int MOST_ROUNDS = 1000000;
-        private static final int UNKNOWN = -1;
-        private static final int NOTHING = Integer.MAX_VALUE;
+    private static final class Needs {
+        static final int ENDLESS = 1 << 20;
+        private static final int LEAST_ROOM = 64;
+        private static final int MOST_ROOM = 1 << 16;
+        private static final int GROWTH = 8;
+
+        long[] yes = new long[LEAST_ROOM];
+        long[] no = new long[LEAST_ROOM];
+        int[] sizes = new int[LEAST_ROOM];
+        private byte[] settled = new byte[LEAST_ROOM];
+        private int[] slots = new int[2 * LEAST_ROOM];
+        private int[] trail = new int[LEAST_ROOM];
+        private int[] later = new int[LEAST_ROOM];
+        private int count;
+        private int trailCount;
+        private int laterCount;
+        private boolean changed;
+        /** How many more may come in until the next look. */
+        private int fresh;
+        private int edition = NONE;
+        /** Sizes from this one on are of no interest. */
+        int bound;
+
+        /** Keeps what is known, if it is of the same schemas and sizes. */
+        void start(int ofEdition, int ofBound) {
+            if (edition != ofEdition || bound != ofBound) {
+                clear();
+            }
+            edition = ofEdition;
+            bound = ofBound;
+        }
+
+        void clear() {
+            Arrays.fill(slots, 0);
+            count = 0;
+            trailCount = 0;
+            laterCount = 0;
+            changed = false;
+        }
+
+        boolean isBusy() {
+            return trailCount + laterCount > 0;
+        }
+
+        boolean isSettled(int place) {
+            return settled[place] == 1;
+        }
+
+        /** Whether there is room for so many more. */
+        boolean hasRoom(int more) {
+            fresh = more;
+            if (count + more <= yes.length) {
+                return true;
+            }
+            int room = Math.min(GROWTH * yes.length, MOST_ROOM);
+            if (count + more > room) {
+                return false;
+            }
+            yes = Arrays.copyOf(yes, room);
+            no = Arrays.copyOf(no, room);
+            sizes = Arrays.copyOf(sizes, room);
+            settled = Arrays.copyOf(settled, room);
+            trail = Arrays.copyOf(trail, room);
+            later = Arrays.copyOf(later, room);
+            slots = new int[2 * room];
+            for (int i = 0; i < count; i++) {
+                slots[slotOf(yes[i], no[i])] = i + 1;
+            }
+            return true;
+        }
+
+        private int slotOf(long must, long mustNot) {
+            long mixed = (must * 0x9E3779B97F4A7C15L ^ mustNot) * 0xC2B2AE3D27D4EB4FL;
+            int mask = slots.length - 1;
+            int slot = (int) (mixed >>> 32) & mask;
+            for (int i = 0; i < slots.length && slots[slot] > 0; i++) {
+                int there = slots[slot] - 1;
+                if (yes[there] == must && no[there] == mustNot) {
+                    return slot;
+                }
+                slot = (slot + 1) & mask;
+            }
+            return slot;
+        }
+
+        /** The place of a pair, which may be new, or -1 if no more may come in now. */
+        int placeOf(long must, long mustNot) {
+            int slot = slotOf(must, mustNot);
+            if (slots[slot] > 0) {
+                return slots[slot] - 1;
+            }
+            if (fresh <= 0 || count >= yes.length) {
+                return NONE;
+            }
+            int made = count;
+            yes[made] = must;
+            no[made] = mustNot;
+            sizes[made] = ENDLESS;
+            settled[made] = 0;
+            trail[trailCount] = made;
+            trailCount++;
+            count++;
+            fresh--;
+            slots[slot] = count;
+            return made;
+        }
+
+        void lower(int place, int size) {
+            if (size < bound && size < sizes[place]) {
+                sizes[place] = size;
+                changed = true;
+            }
+        }
+
+        /** The next one to look into, or -1 if all are settled. */
+        int next() {
+            if (trailCount == 0 && changed) {
+                for (int i = laterCount - 1; i >= 0; i--) {
+                    trail[trailCount] = later[i];
+                    trailCount++;
+                }
+                laterCount = 0;
+                changed = false;
+            }
+            if (trailCount > 0) {
+                return trail[trailCount - 1];
+            }
+            for (int i = 0; i < laterCount; i++) {
+                settled[later[i]] = 1;
+            }
+            laterCount = 0;
+            return NONE;
+        }
+
+        /** Puts one away that was looked into, if nothing came in that has to be looked into ahead of it. */
+        void done(int place, boolean isOpen) {
+            if (trailCount == 0 || trail[trailCount - 1] != place) {
+                return;
+            }
+            trailCount--;
+            settled[place] = isOpen ? (byte) 0 : (byte) 1;
+            if (isOpen) {
+                later[laterCount] = place;
+                laterCount++;
+            }
+        }
+    }
+
+    /**
+     * Finds smallest values from the question down: what a value must and must not be of is split until
+     * lists and records alone are left, and these ask the same of the parts. A value of size 1 is looked
+     * for first, so all else is about lists and records that are not empty.
+     */
+    private static final class Descent {
+        private static final int EITHER = 0;
+        private static final int LISTS = 1;
+        private static final int RECORDS = 2;
+        /** Two bits behind the schemas: to be a list, and to be a record. */
+        private static final long LIST = 1L << MOST_SCHEMAS;
+        private static final long RECORD = 2L << MOST_SCHEMAS;
+        private static final int ATOMS = 0;
+        private static final int JOINS = 1;
+        private static final int UNIONS = 2;
+        private static final int MEETS = 3;
+        private static final int LEAST_DEEP = 2;
+        private static final int MOST_FRESH = 32;
+        private static final int MOST_LOOKS = 100000000;
+        private static final int MOST_SPLITS = 1000000;
+        private static final int STACK = 2 * MOST_SCHEMAS;
+        private static final int[] PLACES = {1, 2, 4, 8, 3, 5, 6, 9, 10, 12, 7, 11, 13, 14, 15};
+        private static final int[] LENGTHS = {1, 3, 7, 15};
 
         private final Schemas book;
         private final Cone cone;
+        private final Needs needs = new Needs();
+        private final Table singles = new Table();
+        /** What follows from being of a schema, and what that bars; then both for not being of it. */
+        private final long[] follows = new long[4 * MOST_SCHEMAS];
+        private final long[] nevers = new long[3];
+        private final long[] alwayses = new long[3];
+        private final long[] groups = new long[4];
+        private final long[] stack = new long[2 * STACK + 4];
+        private final long[] wants = new long[MOST_PARTS];
+        private final long[] misses = new long[MOST_PARTS];
+        private final int[] costs = new int[MOST_PARTS];
+        private final int[] rivals = new int[MOST_SCHEMAS];
+        private int rivalCount;
+        private long yes;
+        private long no;
+        private int state = NONE;
+        private int best;
+        private int left;
+        private boolean isOpen;
+
+        Descent(Schemas book) {
+            this.book = book;
+            cone = new Cone(book);
+        }
+
+        boolean isSure() {
+            return !needs.isBusy();
+        }
+
+        /** Gets ready for the schemas as they are; what a question left unanswered goes ahead of a new one. */
+        void prepare(boolean isNew) {
+            if (isNew && needs.isBusy()) {
+                needs.clear();
+            }
+            cone.prepareAll();
+            Arrays.fill(groups, 0);
+            Arrays.fill(nevers, book.never);
+            Arrays.fill(alwayses, book.always);
+            nevers[LISTS] |= RECORD;
+            nevers[RECORDS] |= LIST;
+            alwayses[LISTS] |= LIST;
+            alwayses[RECORDS] |= RECORD;
+            for (int i = 0; i < book.count; i++) {
+                int s = book.order[i];
+                follow(s);
+                for (int kind = LISTS; kind <= RECORDS; kind++) {
+                    nevers[kind] |= isNever(s, kind) ? Cone.bit(s) : 0;
+                    alwayses[kind] |= isAlways(s, kind) ? Cone.bit(s) : 0;
+                }
+            }
+            nevers[EITHER] = nevers[LISTS] & nevers[RECORDS];
+            alwayses[EITHER] = alwayses[LISTS] & alwayses[RECORDS];
+            addSingles();
+        }
+
+        private void follow(int s) {
+            int at = 4 * s;
+            long own = Cone.bit(s);
+            follows[at] = own;
+            follows[at + 1] = 0;
+            follows[at + 2] = 0;
+            follows[at + 3] = own;
+            int a = book.kinds[s] == 'r' ? book.target(s) : book.firsts[s];
+            int b = book.seconds[s];
+            switch (book.kinds[s]) {
+                case 'u':
+                    groups[UNIONS] |= own;
+                    groups[JOINS] |= own;
+                    draw(at + 2, a, 2);
+                    draw(at + 2, b, 2);
+                    break;
+                case '&':
+                    groups[MEETS] |= own;
+                    groups[JOINS] |= own;
+                    draw(at, a, 0);
+                    draw(at, b, 0);
+                    break;
+                case '!':
+                    groups[JOINS] |= own;
+                    draw(at, a, 2);
+                    draw(at + 2, a, 0);
+                    break;
+                case 'r':
+                    groups[JOINS] |= own;
+                    draw(at, a, 0);
+                    draw(at + 2, a, 2);
+                    break;
+                case 'a':
+                case '0':
+                    break;
+                default:
+                    groups[ATOMS] |= own;
+                    break;
+            }
+        }
+
+        /** Adds what follows from being (0), or not being (2), of another schema. */
+        private void draw(int at, int other, int not) {
+            if (other >= 0) {
+                follows[at] |= follows[4 * other + not];
+                follows[at + 1] |= follows[4 * other + not + 1];
+            }
+        }
+
+        /** Whether no list, or no record, but perhaps the empty one is of a schema, by how it is written. */
+        private boolean isNever(int s, int kind) {
+            long never = nevers[kind];
+            int a = book.firsts[s];
+            switch (book.kinds[s]) {
+                case 'l':
+                    return kind == RECORDS || book.thirds[s] == 0 || Cone.holds(book.never, a);
+                case 'o':
+                    return kind == LISTS || book.barred(s) == ALL_PLACES;
+                case 'u':
+                    return Cone.holds(never, a) && Cone.holds(never, book.seconds[s]);
+                case '&':
+                    return Cone.holds(never, a) || Cone.holds(never, book.seconds[s]);
+                case '!':
+                    return Cone.holds(alwayses[kind], a);
+                case 'r':
+                    return Cone.holds(never, book.target(s));
+                case 'a':
+                case '0':
+                    return false;
+                default:
+                    return true;
+            }
+        }
+
+        /** Whether each list, or each record, but perhaps the empty one is of a schema, by how it is written. */
+        private boolean isAlways(int s, int kind) {
+            long always = alwayses[kind];
+            int a = book.firsts[s];
+            switch (book.kinds[s]) {
+                case 'l':
+                    return kind == LISTS && book.seconds[s] <= 1 && book.thirds[s] == MOST_PARTS
+                            && Cone.holds(book.always, a);
+                case 'o':
+                    return kind == RECORDS && (book.needed(s) | book.barred(s)) == 0
+                            && (book.nested(s) & ~book.always) == 0;
+                case 'u':
+                    return Cone.holds(always, a) || Cone.holds(always, book.seconds[s]);
+                case '&':
+                    return Cone.holds(always, a) && Cone.holds(always, book.seconds[s]);
+                case '!':
+                    return Cone.holds(nevers[kind], a);
+                case 'r':
+                    return Cone.holds(always, book.target(s));
+                default:
+                    return false;
+            }
+        }
+
+        private void addSingles() {
+            singles.start(0, 0, 4 * MOST_SCHEMAS);
+            addSingle(cone.ofLeaf('z', 0));
+            addSingle(cone.ofLeaf('b', 0));
+            addSingle(cone.taking(0));
+            addSingle(cone.withoutLabel(0) & cone.withoutLabel(1) & cone.withoutLabel(2) & cone.withoutLabel(3));
+            for (int symbol = 0; symbol <= 9; symbol++) {
+                addSingle(cone.ofLeaf('s', symbol));
+            }
+            for (int i = 0; i < cone.breaks(); i++) {
+                addSingle(cone.ofLeaf('n', cone.breakAt(i)));
+            }
+        }
+
+        private void addSingle(long own) {
+            singles.lower(cone.joinedUp(own), 1);
+        }
+
+        /** The smallest size found, below the bound, of a value of a schema and not of another one; else ENDLESS. */
+        int smallest(int schema, int other, int bound, int mostAsked) {
+            left = mostAsked;
+            state = NONE;
+            needs.start(book.edition, bound);
+            needs.hasRoom(1);
+            cost(Cone.bit(schema), Cone.bit(other));
+            for (int look = 0; look < MOST_LOOKS && needs.hasRoom(MOST_FRESH); look++) {
+                state = needs.next();
+                if (state < 0) {
+                    break;
+                }
+                best = Math.min(needs.sizes[state], needs.bound);
+                isOpen = false;
+                lookInto(LISTS);
+                lookInto(RECORDS);
+                needs.lower(state, best);
+                if (left <= 0) {
+                    break;
+                }
+                needs.done(state, isOpen && best > LEAST_DEEP);
+            }
+            state = NONE;
+            return cost(Cone.bit(schema), Cone.bit(other));
+        }
+
+        /** Looks for smaller lists, or records, that meet what is asked for. */
+        private void lookInto(int kind) {
+            stack[0] = needs.yes[state];
+            stack[1] = needs.no[state];
+            int high = 1;
+            int[] shapes = kind == LISTS ? LENGTHS : PLACES;
+            for (int split = 0; high > 0; split++) {
+                if (split >= MOST_SPLITS || high > STACK) {
+                    left = 0;
+                }
+                if (left <= 0) {
+                    return;
+                }
+                high--;
+                yes = stack[2 * high];
+                no = stack[2 * high + 1];
+                if (!ease(kind)) {
+                    continue;
+                }
+                if ((openUnions(kind) | openMeets(kind)) != 0) {
+                    high = split(kind, high);
+                    continue;
+                }
+                long those = yes & groups[ATOMS];
+                long others = no & groups[ATOMS] & ~nevers[kind];
+                for (int i = 0; i < shapes.length && left > 0; i++) {
+                    if (1 + Long.bitCount(shapes[i]) < best) {
+                        assign(0, opened(shapes[i], those, others));
+                    }
+                }
+            }
+        }
+
+        /** Puts both ways to meet an open choice on the stack. */
+        private int split(int kind, int high) {
+            long unions = openUnions(kind);
+            int s = Long.numberOfTrailingZeros(unions != 0 ? unions : openMeets(kind));
+            for (int i = 0; i < 2; i++) {
+                long way = Cone.bit(i == 0 ? book.seconds[s] : book.firsts[s]);
+                stack[2 * (high + i)] = yes | (unions != 0 ? way : 0);
+                stack[2 * (high + i) + 1] = no | (unions != 0 ? 0 : way);
+            }
+            return high + 2;
+        }
+
+        /** The size, so far, of a value with parts at these places; ENDLESS if there can't be one. */
+        private int opened(int places, long those, long others) {
+            rivalCount = 0;
+            Arrays.fill(wants, 0);
+            Arrays.fill(misses, 0);
+            Arrays.fill(costs, 0);
+            for (int s = 0; s < book.count; s++) {
+                boolean fits = ((book.needed(s) & ~places) | (book.barred(s) & places)) == 0;
+                if (Cone.holds(those, s) && !fits) {
+                    return Needs.ENDLESS;
+                }
+                for (int i = 0; i < MOST_PARTS && Cone.holds(those, s); i++) {
+                    wants[i] |= Cone.bit(book.below(s, i));
+                }
+            }
+            for (int ways = 0; ways <= MOST_PARTS; ways++) {
+                addRivals(places, others, ways);
+            }
+            int total = 1;
+            for (int i = 0; i < MOST_PARTS && total < best; i++) {
+                costs[i] = (places >> i & 1) == 0 ? 0 : cost(wants[i], 0);
+                total += costs[i];
+            }
+            return total;
+        }
+
+        /** Adds those that some part must keep the value from, if there are so many places for it. */
+        private void addRivals(int places, long others, int ways) {
+            for (int s = 0; s < book.count; s++) {
+                boolean fits = ((book.needed(s) & ~places) | (book.barred(s) & places)) == 0;
+                if (Cone.holds(others, s) && fits) {
+                    int told = 0;
+                    for (int i = 0; i < MOST_PARTS; i++) {
+                        boolean helps = book.below(s, i) >= 0 && !Cone.holds(book.always, book.below(s, i));
+                        told += (places >> i & 1) == 1 && helps ? 1 : 0;
+                    }
+                    if (told == ways) {
+                        rivals[rivalCount] = s;
+                        rivalCount++;
+                    }
+                }
+            }
+        }
+
+        /** Gives each rival from an index on a place where the part keeps the value from being of it. */
+        private void assign(int index, int total) {
+            if (total >= best || left <= 0 || index > MOST_SCHEMAS) {
+                return;
+            }
+            if (index >= rivalCount) {
+                best = Math.min(total, MOST_SIZE);
+                return;
+            }
+            int s = rivals[index];
+            if (isMissed(s)) {
+                assign(index + 1, total);
+                return;
+            }
+            for (int i = 0; i < MOST_PARTS; i++) {
+                int item = book.below(s, i);
+                if (costs[i] > 0 && item >= 0) {
+                    long before = misses[i];
+                    int was = costs[i];
+                    misses[i] |= Cone.bit(item);
+                    costs[i] = cost(wants[i], misses[i]);
+                    assign(index + 1, total - was + costs[i]);
+                    misses[i] = before;
+                    costs[i] = was;
+                    // The parts of a list that nothing tells apart yet are one as good as the other.
+                    if (before == 0 && book.kinds[s] == 'l') {
+                        return;
+                    }
+                }
+            }
+        }
+
+        private boolean isMissed(int s) {
+            for (int i = 0; i < MOST_PARTS; i++) {
+                if (Cone.holds(misses[i], book.below(s, i))) {
+                    return true;
+                }
+            }
+            return false;
+        }
+
+        /** The smallest size known of a value that is of all these and of none of those. */
+        private int cost(long must, long mustNot) {
+            left--;
+            for (int i = 0; i < singles.count; i++) {
+                if (((must & ~singles.keys[i]) | (mustNot & singles.keys[i])) == 0) {
+                    return 1;
+                }
+            }
+            yes = must;
+            no = mustNot;
+            if (!ease(EITHER)) {
+                return Needs.ENDLESS;
+            }
+            boolean noList = ((yes & nevers[LISTS]) | (no & alwayses[LISTS])) != 0;
+            boolean noRecord = ((yes & nevers[RECORDS]) | (no & alwayses[RECORDS])) != 0;
+            int kind = noList ? RECORDS : noRecord ? LISTS : EITHER;
+            no |= (noList ? LIST : 0) | (noRecord ? RECORD : 0);
+            if (!ease(kind)) {
+                return Needs.ENDLESS;
+            }
+            long keptYes = (yes & groups[ATOMS] & ~alwayses[kind]) | openUnions(kind);
+            long keptNo = (no & (groups[ATOMS] | LIST | RECORD) & ~(nevers[kind] & groups[ATOMS])) | openMeets(kind);
+            int place = needs.placeOf(keptYes, keptNo);
+            if (place < 0) {
+                isOpen = true;
+                return Needs.ENDLESS;
+            }
+            // A value is greater than its parts, so that asking for itself makes none that is smaller.
+            isOpen |= place != state && !needs.isSettled(place);
+            return place == state ? Needs.ENDLESS : needs.sizes[place];
+        }
+
+        /** Adds all that follows for a value of this kind from what it is of and not of; false if that can't be. */
+        private boolean ease(int kind) {
+            long never = nevers[kind];
+            long always = alwayses[kind];
+            long knownYes = 0;
+            long knownNo = 0;
+            boolean grown = true;
+            for (int pass = 0; pass <= 2 * MOST_SCHEMAS && grown; pass++) {
+                long freshYes = yes & groups[JOINS] & ~knownYes;
+                long freshNo = no & groups[JOINS] & ~knownNo;
+                for (int i = 0; i < 2 * MOST_SCHEMAS && (freshYes | freshNo) != 0; i++) {
+                    int at = freshYes != 0 ? 4 * Long.numberOfTrailingZeros(freshYes)
+                            : 4 * Long.numberOfTrailingZeros(freshNo) + 2;
+                    freshNo &= freshYes != 0 ? -1L : freshNo - 1;
+                    freshYes &= freshYes - 1;
+                    yes |= follows[at];
+                    no |= follows[at + 1];
+                }
+                if (((yes & (no | never)) | (no & always)) != 0) {
+                    return false;
+                }
+                knownYes = yes;
+                knownNo = no;
+                yes |= drawnFrom(yes & groups[UNIONS], no | never);
+                no |= drawnFrom(no & groups[MEETS], yes | always);
+                grown = yes != knownYes || no != knownNo;
+            }
+            return true;
+        }
+
+        /** Of each choice one side of which is ruled out, the other side. */
+        private long drawnFrom(long choices, long ruledOut) {
+            long drawn = 0;
+            long rest = choices;
+            for (int i = 0; i < MOST_SCHEMAS && rest != 0; i++) {
+                int s = Long.numberOfTrailingZeros(rest);
+                rest &= rest - 1;
+                drawn |= Cone.holds(ruledOut, book.firsts[s]) ? Cone.bit(book.seconds[s]) : 0;
+                drawn |= Cone.holds(ruledOut, book.seconds[s]) ? Cone.bit(book.firsts[s]) : 0;
+            }
+            return drawn;
+        }
+
+        /** The unions that a value must be of, and of neither side of which it is seen to be. */
+        private long openUnions(int kind) {
+            return undecided(yes & groups[UNIONS], yes | alwayses[kind]);
+        }
+
+        /** The meets that a value must not be of, and of neither side of which it is seen not to be. */
+        private long openMeets(int kind) {
+            return undecided(no & groups[MEETS], no | nevers[kind]);
+        }
+
+        private long undecided(long choices, long decided) {
+            long open = choices;
+            long rest = choices;
+            for (int i = 0; i < MOST_SCHEMAS && rest != 0; i++) {
+                int s = Long.numberOfTrailingZeros(rest);
+                rest &= rest - 1;
+                boolean is = Cone.holds(decided, book.firsts[s]) || Cone.holds(decided, book.seconds[s]);
+                open &= is ? ~Cone.bit(s) : -1L;
+            }
+            return open;
+        }
+    }
+
+    /**
+     * Finds the smallest value of one schema that is not of another one, by two ways in turns: up from
+     * the leaves, and down from the question. Each is sure of its answer if it came to its end; what one
+     * can't end within its bounds, the other one mostly can.
+     */
+    private static final class Search {
+        private static final int TURNS = 2;
+        private static final int[] ROWS = {2048, 1 << 16};
+        private static final int[] PAIRS = {2000000, 200000000};
+        private static final int[] ASKED = {300000, 5000000};
+        private static final int MOST_ROUNDS = 1000000;
+        private static final int UNKNOWN = -1;
+
+        private final Schemas book;
+        private final Cone cone;
+        private final Descent descent;
         private final Table items = new Table();
         private final Table parts = new Table();
         private final Table records = new Table();
@@ -1605,11 +2246,14 @@ public final class Formwarden {
         private int wanted;
         private int unwanted;
         private int best;
+        private int pairs;
         private boolean changed;
+        private boolean isSure;
 
         Search(Schemas book) {
             this.book = book;
             cone = new Cone(book);
+            descent = new Descent(book);
         }
 
         /** The size of the smallest value of a schema and not of another one (-1: of any); 0 if there is none. */
@@ -1623,31 +2267,48 @@ public final class Formwarden {
             }
             int place = schema * (MOST_SCHEMAS + 1) + other + 1;
             if (answers[place] == UNKNOWN) {
-                start(schema, other);
-                addLeaves();
-                for (int round = 0; round < MOST_ROUNDS && changed; round++) {
-                    changed = false;
-                    addLists();
-                    addRecords();
+                wanted = schema;
+                unwanted = other;
+                best = Needs.ENDLESS;
+                isSure = false;
+                cone.prepare(schema, other);
+                for (int turn = 0; turn < TURNS && !isSure; turn++) {
+                    climb(ROWS[turn], PAIRS[turn]);
+                    if (!isSure) {
+                        descent.prepare(turn == 0);
+                        best = Math.min(best, descent.smallest(schema, other, best, ASKED[turn]));
+                        isSure = descent.isSure();
+                    }
                 }
-                answers[place] = best == NOTHING ? 0 : best;
+                answers[place] = best == Needs.ENDLESS ? 0 : best;
             }
             return answers[place];
         }
-
-        private void start(int schema, int other) {
-            cone.prepare(schema, other);
-            wanted = schema;
-            unwanted = other;
-            best = NOTHING;
+        /**
+         * Values that the schemas can't tell apart count as one: all kinds of values that there are get built
+         * up from the leaves, with the smallest size of each, until nothing new comes.
+         */
+        private void climb(int rows, int mostPairs) {
+            isSure = true;
             changed = true;
-            items.start(cone.rising, cone.falling);
-            parts.start(cone.rising, cone.falling);
-            records.start(cone.rising, cone.falling);
-            one.start(cone.rising, cone.falling);
-            two.start(cone.rising, cone.falling);
+            pairs = mostPairs;
+            start(rows);
+            addLeaves();
+            for (int round = 0; round < MOST_ROUNDS && changed && isSure; round++) {
+                changed = false;
+                addLists();
+                addRecords();
+            }
+        }
+
+        private void start(int rows) {
+            items.start(cone.rising, cone.falling, rows);
+            parts.start(cone.rising, cone.falling, rows);
+            records.start(cone.rising, cone.falling, rows);
+            one.start(cone.rising, cone.falling, rows);
+            two.start(cone.rising, cone.falling, rows);
             for (int label = 0; label < LABELS; label++) {
-                fields[label].start(cone.rising, cone.falling);
+                fields[label].start(cone.rising, cone.falling, rows);
                 fields[label].lower(cone.withoutLabel(label), 0);
             }
         }
@@ -1674,10 +2335,11 @@ public final class Formwarden {
                 return;
             }
             if (items.lower(cone.asItem(bits), size)) {
-                changed = true;
-                parts.lower(cone.asPart(bits), size);
+                changed |= parts.lower(cone.asPart(bits), size);
+                isSure &= !parts.spilled;
                 for (int label = 0; label < LABELS; label++) {
-                    fields[label].lower(cone.atLabel(bits, label), size);
+                    changed |= fields[label].lower(cone.atLabel(bits, label), size);
+                    isSure &= !fields[label].spilled;
                 }
             }
         }
@@ -1704,7 +2366,8 @@ public final class Formwarden {
             multiply(fields[0], fields[1], one, ~0L);
             multiply(one, fields[2], two, ~0L);
             int last = fields[3].count;
-            for (int i = 0; i < two.count; i++) {
+            for (int i = 0; i < two.count && isSure; i++) {
+                pay(last);
                 for (int k = 0; k < last; k++) {
                     long key = two.keys[i] & fields[3].keys[k];
                     int size = above(two.sizes[i] + fields[3].sizes[k]);
@@ -1719,16 +2382,23 @@ public final class Formwarden {
             return Math.min(size + 1, MOST_SIZE);
         }
 
+        private void pay(int price) {
+            isSure &= price <= pairs;
+            pairs -= Math.min(price, pairs);
+        }
+
         /** What two tables have together, row by row, as far as it can be part of a smaller answer. */
         private void multiply(Table left, Table right, Table into, long mask) {
             into.clear();
-            for (int i = 0; i < left.count; i++) {
+            for (int i = 0; i < left.count && isSure; i++) {
+                pay(right.count);
                 for (int k = 0; k < right.count; k++) {
                     int size = Math.min(left.sizes[i] + right.sizes[k], MOST_SIZE);
                     if (above(size) < best) {
                         into.lower(left.keys[i] & right.keys[k] & mask, size);
                     }
                 }
+                isSure &= !into.spilled;
             }
         }
     }
