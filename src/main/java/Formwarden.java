@@ -601,7 +601,9 @@ public final class Formwarden {
         final int[] seconds = new int[MOST_SCHEMAS];
         final int[] thirds = new int[MOST_SCHEMAS];
         private final int[] items = new int[MOST_SCHEMAS * LABELS];
-        private final int[] musts = new int[MOST_SCHEMAS * LABELS];
+        /** The labels, as bits, that must be there, and those that are told. */
+        private final int[] musts = new int[MOST_SCHEMAS];
+        private final int[] told = new int[MOST_SCHEMAS];
         private final int[] bound = {NONE, NONE, NONE, NONE, NONE, NONE};
         /** Each schema behind all that it is joined from without a list or record between. */
         final int[] order = new int[MOST_SCHEMAS];
@@ -680,8 +682,9 @@ public final class Formwarden {
             thirds[made] = c;
             for (int label = 0; label < LABELS; label++) {
                 items[made * LABELS + label] = NONE;
-                musts[made * LABELS + label] = 0;
             }
+            musts[made] = 0;
+            told[made] = 0;
             order[made] = made;
             count++;
             return made;
@@ -692,7 +695,9 @@ public final class Formwarden {
             int place = schema * LABELS + label;
             int before = items[place];
             items[place] = item;
-            musts[place] = must && item >= 0 ? 1 : 0;
+            int bit = 1 << label;
+            musts[schema] = must && item >= 0 ? musts[schema] | bit : musts[schema] & ~bit;
+            told[schema] = item >= 0 ? told[schema] | bit : told[schema] & ~bit;
             edition++;
             return before;
         }
@@ -707,7 +712,7 @@ public final class Formwarden {
 
         boolean mustHave(int schema, int label) {
             return schema >= 0 && schema < count && label >= 0 && label < LABELS
-                    && musts[schema * LABELS + label] == 1;
+                    && (musts[schema] >> label & 1) == 1;
         }
 
         /** The schema for the part at a place of a list or at a label, or -1. */
@@ -715,22 +720,17 @@ public final class Formwarden {
             return kinds[schema] == 'l' ? firsts[schema] : itemAt(schema, index);
         }
 
-        /** The places or labels, as bits, at which something must be. */
+        /** The places of a list or the labels, as bits, at which something must be. */
         int needed(int schema) {
-            int places = kinds[schema] == 'l' ? (1 << seconds[schema]) - 1 : 0;
-            for (int label = 0; label < LABELS && kinds[schema] == 'o'; label++) {
-                places |= musts[schema * LABELS + label] << label;
-            }
-            return places;
+            return kinds[schema] == 'l' ? (1 << seconds[schema]) - 1 : musts[schema];
         }
 
-        /** The places or labels, as bits, at which nothing must be. */
+        /** The places of a list or the labels, as bits, at which nothing must be. */
         int barred(int schema) {
-            int places = kinds[schema] == 'l' ? ALL_PLACES & -(1 << thirds[schema]) : 0;
-            for (int label = 0; label < LABELS && kinds[schema] == 'o'; label++) {
-                places |= firsts[schema] == 1 && items[schema * LABELS + label] < 0 ? 1 << label : 0;
+            if (kinds[schema] == 'l') {
+                return ALL_PLACES & -(1 << thirds[schema]);
             }
-            return places;
+            return isClosed(schema) ? ALL_PLACES & ~told[schema] : 0;
         }
 
         boolean isClosed(int schema) {
@@ -921,7 +921,8 @@ public final class Formwarden {
             System.arraycopy(other.seconds, 0, seconds, 0, MOST_SCHEMAS);
             System.arraycopy(other.thirds, 0, thirds, 0, MOST_SCHEMAS);
             System.arraycopy(other.items, 0, items, 0, MOST_SCHEMAS * LABELS);
-            System.arraycopy(other.musts, 0, musts, 0, MOST_SCHEMAS * LABELS);
+            System.arraycopy(other.musts, 0, musts, 0, MOST_SCHEMAS);
+            System.arraycopy(other.told, 0, told, 0, MOST_SCHEMAS);
             System.arraycopy(other.bound, 0, bound, 0, NAMES);
             System.arraycopy(other.order, 0, order, 0, MOST_SCHEMAS);
             count = other.count;
@@ -1641,15 +1642,24 @@ public final class Formwarden {
         private int fresh;
         private int edition = NONE;
         /** Sizes from this one on are of no interest. */
-        int bound;
+        private int bound;
+        /** The one that is looked into, or -1. */
+        int current = NONE;
 
-        /** Keeps what is known, if it is of the same schemas and sizes. */
+        /** Keeps what is known, if it is of the same schemas and sizes; one more may come in. */
         void start(int ofEdition, int ofBound) {
             if (edition != ofEdition || bound != ofBound) {
                 clear();
             }
             edition = ofEdition;
             bound = ofBound;
+            fresh = hasRoom(1) ? 1 : 0;
+            current = NONE;
+        }
+
+        void stop() {
+            fresh = 0;
+            current = NONE;
         }
 
         void clear() {
@@ -1668,9 +1678,7 @@ public final class Formwarden {
             return settled[place] == 1;
         }
 
-        /** Whether there is room for so many more. */
-        boolean hasRoom(int more) {
-            fresh = more;
+        private boolean hasRoom(int more) {
             if (count + more <= yes.length) {
                 return true;
             }
@@ -1727,42 +1735,47 @@ public final class Formwarden {
             return made;
         }
 
-        void lower(int place, int size) {
-            if (size < bound && size < sizes[place]) {
-                sizes[place] = size;
+        void lower(int size) {
+            if (size < bound && size < sizes[current]) {
+                sizes[current] = size;
                 changed = true;
             }
         }
 
-        /** The next one to look into, or -1 if all are settled. */
-        int next() {
-            if (trailCount == 0 && changed) {
-                for (int i = laterCount - 1; i >= 0; i--) {
-                    trail[trailCount] = later[i];
-                    trailCount++;
-                }
-                laterCount = 0;
-                changed = false;
+        /** Goes to the next one to look into, with room for so many new ones; false if there is none, or no room. */
+        boolean goesOn(int more) {
+            if (trailCount == 0) {
+                goBack();
             }
-            if (trailCount > 0) {
-                return trail[trailCount - 1];
-            }
-            for (int i = 0; i < laterCount; i++) {
-                settled[later[i]] = 1;
-            }
-            laterCount = 0;
-            return NONE;
+            boolean goes = trailCount > 0 && hasRoom(more);
+            current = goes ? trail[trailCount - 1] : NONE;
+            fresh = goes ? more : 0;
+            return goes;
         }
 
-        /** Puts one away that was looked into, if nothing came in that has to be looked into ahead of it. */
-        void done(int place, boolean isOpen) {
-            if (trailCount == 0 || trail[trailCount - 1] != place) {
+        /** Takes up again those that hang on others, or settles them, if nothing changed meanwhile. */
+        private void goBack() {
+            for (int i = laterCount - 1; i >= 0; i--) {
+                if (changed) {
+                    trail[trailCount] = later[i];
+                    trailCount++;
+                } else {
+                    settled[later[i]] = 1;
+                }
+            }
+            laterCount = 0;
+            changed = false;
+        }
+
+        /** Puts the current one away, if nothing came in that has to be looked into ahead of it. */
+        void done(boolean isOpen) {
+            if (trailCount == 0 || trail[trailCount - 1] != current) {
                 return;
             }
             trailCount--;
-            settled[place] = isOpen ? (byte) 0 : (byte) 1;
+            settled[current] = isOpen ? (byte) 0 : (byte) 1;
             if (isOpen) {
-                later[laterCount] = place;
+                later[laterCount] = current;
                 laterCount++;
             }
         }
@@ -1805,11 +1818,11 @@ public final class Formwarden {
         private final long[] wants = new long[MOST_PARTS];
         private final long[] misses = new long[MOST_PARTS];
         private final int[] costs = new int[MOST_PARTS];
+        private final int[] twins = new int[MOST_PARTS];
         private final int[] rivals = new int[MOST_SCHEMAS];
         private int rivalCount;
         private long yes;
         private long no;
-        private int state = NONE;
         private int best;
         private int left;
         private boolean isOpen;
@@ -1968,33 +1981,27 @@ public final class Formwarden {
         /** The smallest size found, below the bound, of a value of a schema and not of another one; else ENDLESS. */
         int smallest(int schema, int other, int bound, int mostAsked) {
             left = mostAsked;
-            state = NONE;
             needs.start(book.edition, bound);
-            needs.hasRoom(1);
             cost(Cone.bit(schema), Cone.bit(other));
-            for (int look = 0; look < MOST_LOOKS && needs.hasRoom(MOST_FRESH); look++) {
-                state = needs.next();
-                if (state < 0) {
-                    break;
-                }
-                best = Math.min(needs.sizes[state], needs.bound);
+            for (int look = 0; look < MOST_LOOKS && needs.goesOn(MOST_FRESH); look++) {
+                best = Math.min(needs.sizes[needs.current], bound);
                 isOpen = false;
                 lookInto(LISTS);
                 lookInto(RECORDS);
-                needs.lower(state, best);
+                needs.lower(best);
                 if (left <= 0) {
                     break;
                 }
-                needs.done(state, isOpen && best > LEAST_DEEP);
+                needs.done(isOpen && best > LEAST_DEEP);
             }
-            state = NONE;
+            needs.stop();
             return cost(Cone.bit(schema), Cone.bit(other));
         }
 
         /** Looks for smaller lists, or records, that meet what is asked for. */
         private void lookInto(int kind) {
-            stack[0] = needs.yes[state];
-            stack[1] = needs.no[state];
+            stack[0] = needs.yes[needs.current];
+            stack[1] = needs.no[needs.current];
             int high = 1;
             int[] shapes = kind == LISTS ? LENGTHS : PLACES;
             for (int split = 0; high > 0; split++) {
@@ -2038,46 +2045,70 @@ public final class Formwarden {
 
         /** The size, so far, of a value with parts at these places; ENDLESS if there can't be one. */
         private int opened(int places, long those, long others) {
-            rivalCount = 0;
             Arrays.fill(wants, 0);
             Arrays.fill(misses, 0);
             Arrays.fill(costs, 0);
-            for (int s = 0; s < book.count; s++) {
-                boolean fits = ((book.needed(s) & ~places) | (book.barred(s) & places)) == 0;
-                if (Cone.holds(those, s) && !fits) {
+            long rest = those;
+            for (int n = 0; n < MOST_SCHEMAS && rest != 0; n++) {
+                int s = Long.numberOfTrailingZeros(rest);
+                rest &= rest - 1;
+                if (!takes(s, places)) {
                     return Needs.ENDLESS;
                 }
-                for (int i = 0; i < MOST_PARTS && Cone.holds(those, s); i++) {
+                for (int i = 0; i < MOST_PARTS; i++) {
                     wants[i] |= Cone.bit(book.below(s, i));
                 }
             }
+            rivalCount = 0;
             for (int ways = 0; ways <= MOST_PARTS; ways++) {
                 addRivals(places, others, ways);
+                if (ways == 0 && rivalCount > 0) {
+                    return Needs.ENDLESS;
+                }
             }
             int total = 1;
             for (int i = 0; i < MOST_PARTS && total < best; i++) {
+                twins[i] = twinOf(i, places);
                 costs[i] = (places >> i & 1) == 0 ? 0 : cost(wants[i], 0);
                 total += costs[i];
             }
             return total;
         }
 
+        private boolean takes(int s, int places) {
+            return ((book.needed(s) & ~places) | (book.barred(s) & places)) == 0;
+        }
+
         /** Adds those that some part must keep the value from, if there are so many places for it. */
         private void addRivals(int places, long others, int ways) {
-            for (int s = 0; s < book.count; s++) {
-                boolean fits = ((book.needed(s) & ~places) | (book.barred(s) & places)) == 0;
-                if (Cone.holds(others, s) && fits) {
-                    int told = 0;
-                    for (int i = 0; i < MOST_PARTS; i++) {
-                        boolean helps = book.below(s, i) >= 0 && !Cone.holds(book.always, book.below(s, i));
-                        told += (places >> i & 1) == 1 && helps ? 1 : 0;
-                    }
-                    if (told == ways) {
-                        rivals[rivalCount] = s;
-                        rivalCount++;
-                    }
+            long rest = others;
+            for (int n = 0; n < MOST_SCHEMAS && rest != 0; n++) {
+                int s = Long.numberOfTrailingZeros(rest);
+                rest &= rest - 1;
+                int told = 0;
+                for (int i = 0; i < MOST_PARTS; i++) {
+                    int item = book.below(s, i);
+                    told += (places >> i & 1) == 1 && item >= 0 && !Cone.holds(book.always, item) ? 1 : 0;
+                }
+                if (told == ways && takes(s, places)) {
+                    rivals[rivalCount] = s;
+                    rivalCount++;
                 }
             }
+        }
+
+        /** The last place ahead of this one where all the same is asked for, or -1. */
+        private int twinOf(int place, int places) {
+            for (int i = place - 1; i >= 0; i--) {
+                boolean same = (places >> i & 1) == 1 && wants[i] == wants[place];
+                for (int k = 0; k < rivalCount && same; k++) {
+                    same = book.below(rivals[k], i) == book.below(rivals[k], place);
+                }
+                if (same) {
+                    return i;
+                }
+            }
+            return NONE;
         }
 
         /** Gives each rival from an index on a place where the part keeps the value from being of it. */
@@ -2096,7 +2127,9 @@ public final class Formwarden {
             }
             for (int i = 0; i < MOST_PARTS; i++) {
                 int item = book.below(s, i);
-                if (costs[i] > 0 && item >= 0) {
+                // Of places that nothing tells apart yet, one is as good as the other.
+                boolean isSpare = misses[i] == 0 && twins[i] >= 0 && misses[twins[i]] == 0;
+                if (costs[i] > 0 && item >= 0 && !isSpare) {
                     long before = misses[i];
                     int was = costs[i];
                     misses[i] |= Cone.bit(item);
@@ -2104,10 +2137,6 @@ public final class Formwarden {
                     assign(index + 1, total - was + costs[i]);
                     misses[i] = before;
                     costs[i] = was;
-                    // The parts of a list that nothing tells apart yet are one as good as the other.
-                    if (before == 0 && book.kinds[s] == 'l') {
-                        return;
-                    }
                 }
             }
         }
@@ -2149,8 +2178,8 @@ public final class Formwarden {
                 return Needs.ENDLESS;
             }
             // A value is greater than its parts, so that asking for itself makes none that is smaller.
-            isOpen |= place != state && !needs.isSettled(place);
-            return place == state ? Needs.ENDLESS : needs.sizes[place];
+            isOpen |= place != needs.current && !needs.isSettled(place);
+            return place == needs.current ? Needs.ENDLESS : needs.sizes[place];
         }
 
         /** Adds all that follows for a value of this kind from what it is of and not of; false if that can't be. */
