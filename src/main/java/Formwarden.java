@@ -730,7 +730,7 @@ public final class Formwarden {
             if (kinds[schema] == 'l') {
                 return ALL_PLACES & -(1 << thirds[schema]);
             }
-            return isClosed(schema) ? ALL_PLACES & ~told[schema] : 0;
+            return firsts[schema] == 1 ? ALL_PLACES & ~told[schema] : 0;
         }
 
         boolean isClosed(int schema) {
@@ -1507,6 +1507,7 @@ public final class Formwarden {
     /** Rows of bits, each once, with the smallest size found for it. */
     private static final class Table {
         private static final int LEAST_ROOM = 32;
+        private static final int MOST_ROOM = 1 << 16;
         private static final int GROWTH = 8;
         private static final int LOOKS = 32;
 
@@ -1525,7 +1526,7 @@ public final class Formwarden {
         void start(long rising, long falling, int rows) {
             more = rising;
             fewer = falling;
-            most = rows;
+            most = Math.min(rows, MOST_ROOM);
             spilled = false;
             clear();
         }
@@ -1603,7 +1604,7 @@ public final class Formwarden {
 
         /** Grows by much, for the arrays that are left behind count as well. */
         private void grow() {
-            int room = GROWTH * keys.length;
+            int room = Math.min(GROWTH * keys.length, MOST_ROOM);
             keys = Arrays.copyOf(keys, room);
             sizes = Arrays.copyOf(sizes, room);
             homes = Arrays.copyOf(homes, room);
@@ -1836,7 +1837,7 @@ public final class Formwarden {
             return !needs.isBusy();
         }
 
-        /** Gets ready for the schemas as they are; what a question left unanswered goes ahead of a new one. */
+        /** Gets ready for the schemas as they are; a new question drops what the last one left open. */
         void prepare(boolean isNew) {
             if (isNew && needs.isBusy()) {
                 needs.clear();
@@ -2113,18 +2114,18 @@ public final class Formwarden {
 
         /** Gives each rival from an index on a place where the part keeps the value from being of it. */
         private void assign(int index, int total) {
-            if (total >= best || left <= 0 || index > MOST_SCHEMAS) {
+            int next = index;
+            for (int k = index; k < rivalCount && next == k && isMissed(rivals[k]); k++) {
+                next++;
+            }
+            if (total >= best || left <= 0 || next > MOST_SCHEMAS) {
                 return;
             }
-            if (index >= rivalCount) {
+            if (next >= rivalCount) {
                 best = Math.min(total, MOST_SIZE);
                 return;
             }
-            int s = rivals[index];
-            if (isMissed(s)) {
-                assign(index + 1, total);
-                return;
-            }
+            int s = rivals[next];
             for (int i = 0; i < MOST_PARTS; i++) {
                 int item = book.below(s, i);
                 // Of places that nothing tells apart yet, one is as good as the other.
@@ -2134,7 +2135,7 @@ public final class Formwarden {
                     int was = costs[i];
                     misses[i] |= Cone.bit(item);
                     costs[i] = cost(wants[i], misses[i]);
-                    assign(index + 1, total - was + costs[i]);
+                    assign(next + 1, total - was + costs[i]);
                     misses[i] = before;
                     costs[i] = was;
                 }
@@ -2219,8 +2220,8 @@ public final class Formwarden {
             for (int i = 0; i < MOST_SCHEMAS && rest != 0; i++) {
                 int s = Long.numberOfTrailingZeros(rest);
                 rest &= rest - 1;
-                drawn |= Cone.holds(ruledOut, book.firsts[s]) ? Cone.bit(book.seconds[s]) : 0;
-                drawn |= Cone.holds(ruledOut, book.seconds[s]) ? Cone.bit(book.firsts[s]) : 0;
+                drawn |= (ruledOut >> book.firsts[s] & 1) << book.seconds[s];
+                drawn |= (ruledOut >> book.seconds[s] & 1) << book.firsts[s];
             }
             return drawn;
         }
@@ -2241,8 +2242,7 @@ public final class Formwarden {
             for (int i = 0; i < MOST_SCHEMAS && rest != 0; i++) {
                 int s = Long.numberOfTrailingZeros(rest);
                 rest &= rest - 1;
-                boolean is = Cone.holds(decided, book.firsts[s]) || Cone.holds(decided, book.seconds[s]);
-                open &= is ? ~Cone.bit(s) : -1L;
+                open &= ~((decided >> book.firsts[s] & 1 | decided >> book.seconds[s] & 1) << s);
             }
             return open;
         }
@@ -2255,9 +2255,9 @@ public final class Formwarden {
      */
     private static final class Search {
         private static final int TURNS = 2;
-        private static final int[] ROWS = {2048, 1 << 16};
+        private static final int[] ROWS = {2048, 65536};
         private static final int[] PAIRS = {2000000, 200000000};
-        private static final int[] ASKED = {300000, 5000000};
+        private static final int[] ASKED = {1000000, 30000000};
         private static final int MOST_ROUNDS = 1000000;
         private static final int UNKNOWN = -1;
 
@@ -2313,6 +2313,7 @@ public final class Formwarden {
             }
             return answers[place];
         }
+
         /**
          * Values that the schemas can't tell apart count as one: all kinds of values that there are get built
          * up from the leaves, with the smallest size of each, until nothing new comes.

@@ -15,6 +15,11 @@ public final class InclusionTest {
         large();
         sums();
         borneOut();
+        manyKinds();
+        manyKindsDeep();
+        words();
+        cycles();
+        manyRivals();
         wrong();
         Check.end("InclusionTest");
     }
@@ -342,6 +347,208 @@ public final class InclusionTest {
         Check.raises("no such", IndexOutOfBoundsException.class, () -> f.isBorneOut(4, not));
         Check.raises("no such other", IndexOutOfBoundsException.class, () -> f.isBorneOut(not, 4));
         Check.raises("no such -1", IndexOutOfBoundsException.class, () -> f.isBorneOut(-1, -1));
+    }
+
+    /** Records with one number of five ranges at each of four labels, open otherwise: schemas from the one answered. */
+    private static int twentyRecords(Formwarden f) {
+        int[] symbols = {341, 614, 120, 896};
+        int[] items = new int[5];
+        for (int i = 0; i < 4; i++) {
+            items[i] = f.schema('u', f.schema('s', symbols[i], 0, 0), f.schema('n', 10 * i, 39 + 10 * i, 0), 0);
+        }
+        items[4] = f.schema('n', 0, 99, 0);
+        int first = f.schemas();
+        for (int label = 0; label < 4; label++) {
+            for (int item : items) {
+                int o = f.schema('o', 0, 0, 0);
+                f.field(o, label, item, true);
+            }
+        }
+        return first;
+    }
+
+    /** What some of the kinds that the schemas tell apart have and others not must not get lost among the many. */
+    private static void manyKinds() {
+        for (int form = 0; form < 5; form++) {
+            Formwarden f = new Formwarden();
+            int first = twentyRecords(f);
+            int whole = f.schema('&', f.schema('&', first + 4, first + 9, 0), f.schema('&', first + 14, first + 19, 0), 0);
+            int union = -1;
+            for (int i = 0; i < 4; i++) {
+                int o = f.schema('o', 0, 0, 0);
+                for (int label = 0; label < 4; label++) {
+                    f.field(o, label, first + 5 * label + i, false);
+                }
+                union = i == 0 ? o : f.schema('u', union, o, 0);
+            }
+            int not = f.schema('!', union, 0, 0);
+            int rest = restOf(f, form, whole);
+            int second = f.schema('&', f.schema('u', union, not, 0), rest, 0);
+            int both = f.schema('u', whole, second, 0);
+            int[] leasts = {0, 3, 0, 21, 1};
+            String what = "many kinds " + form;
+            least(what + " second", f, second, leasts[form]);
+            least(what + " both", f, both, leasts[form] == 0 ? 5 : Math.min(5, leasts[form]));
+            gap(what + " both in second", f, both, second, 5);
+            gap(what + " whole in union", f, whole, union, 5);
+            gap(what + " whole in not", f, whole, not, 0);
+            gap(what + " rest in second", f, rest, second, 0);
+            int at = f.value('n', 70);
+            int v = f.record();
+            for (int label = 0; label < 4; label++) {
+                v = f.with(v, label, at);
+            }
+            Check.due(what + " is of it", f.isOf(v, both), true);
+            Check.due(what + " borne out", f.isBorneOut(both, second) && f.isBorneOut(second, both), true);
+        }
+    }
+
+    /** What the second side of the union is met with: nothing that is, lists, an endless record, four wholes, a truth. */
+    private static int restOf(Formwarden f, int form, int whole) {
+        if (form == 0) {
+            return f.schema('&', f.schema('z', 0, 0, 0), f.schema('b', 0, 0, 0), 0);
+        }
+        if (form == 1) {
+            return f.schema('l', 0, 2, 3);
+        }
+        if (form == 4) {
+            return f.schema('b', 0, 0, 0);
+        }
+        int name = form == 2 ? f.schema('r', 0, 0, 0) : whole;
+        int o = f.schema('o', 1, 0, 0);
+        for (int label = 0; label < 4; label++) {
+            f.field(o, label, name, true);
+        }
+        f.bind(0, o);
+        return o;
+    }
+
+    /** Records in records: three ranges at two labels at four labels; the union of six that ask for them everywhere. */
+    private static void manyKindsDeep() {
+        Formwarden f = new Formwarden();
+        int[] inner = new int[6];
+        for (int i = 0; i < 3; i++) {
+            f.schema('n', 10 * i, 24 + 10 * i, 0);
+        }
+        for (int i = 0; i < 6; i++) {
+            inner[i] = f.schema('o', 0, 0, 0);
+            f.field(inner[i], i / 3, i % 3, true);
+        }
+        int first = f.schemas();
+        for (int label = 0; label < 4; label++) {
+            for (int i = 0; i < 6; i++) {
+                int o = f.schema('o', 0, 0, 0);
+                f.field(o, label, inner[i], true);
+            }
+        }
+        int union = -1;
+        for (int i = 0; i < 6; i++) {
+            int o = f.schema('o', 0, 0, 0);
+            for (int label = 0; label < 4; label++) {
+                f.field(o, label, first + 6 * label + i, false);
+            }
+            union = i == 0 ? o : f.schema('u', union, o, 0);
+        }
+        int whole = f.schema('&', first + 2, first + 11, 0);
+        int not = f.schema('!', union, 0, 0);
+        int either = f.schema('u', union, not, 0);
+        least("deep whole", f, whole, 5);
+        gap("deep whole in not", f, whole, not, 0);
+        // Each of the six is kept away by a label whose record has not the one range at the one label.
+        gap("deep whole in union", f, whole, union, 5);
+        least("deep not", f, not, 1);
+        gap("all of either", f, whole, either, 0);
+    }
+
+    /** Chains of records by the labels 0 and 1: which label is the k-th one from the top, and from the end. */
+    private static void words() {
+        int[][] forms = {{3, 4}, {12, 9}, {14, 14}, {19, 8}, {8, 20}, {17, 16}};
+        for (int[] form : forms) {
+            Formwarden f = new Formwarden();
+            int z = f.schema('z', 0, 0, 0);
+            int word = f.schema('r', 0, 0, 0);
+            int zero = fork(f, word, -1);
+            int one = fork(f, -1, word);
+            f.bind(0, f.schema('u', z, f.schema('u', zero, one, 0), 0));
+            int down = one;
+            for (int i = 1; i < form[0]; i++) {
+                down = fork(f, down, down);
+            }
+            int fromTop = f.schema('&', down, word, 0);
+            int up = z;
+            for (int i = 1; i < form[1]; i++) {
+                up = fork(f, up, up);
+            }
+            int end = fork(f, -1, up);
+            int name = f.schema('r', 1, 0, 0);
+            f.bind(1, f.schema('u', end, fork(f, name, name), 0));
+            int fromEnd = f.schema('&', name, word, 0);
+            String what = "words " + form[0] + " " + form[1];
+            least(what + " from the top", f, fromTop, form[0] + 1);
+            least(what + " from the end", f, fromEnd, form[1] + 1);
+            gap(what + " top in end", f, fromTop, fromEnd, form[0] + 1);
+            gap(what + " end in top", f, fromEnd, fromTop, form[1] + 1);
+            gap(what + " all in end", f, word, fromEnd, 1);
+            gap(what + " top in all", f, fromTop, word, 0);
+            gap(what + " end in all", f, fromEnd, word, 0);
+        }
+    }
+
+    /** A closed record that may have what is told at the labels 0 and 1. */
+    private static int fork(Formwarden f, int atZero, int atOne) {
+        int o = f.schema('o', 1, 0, 0);
+        f.field(o, 0, atZero, atOne < 0);
+        f.field(o, 1, atOne, atZero < 0);
+        return o;
+    }
+
+    /** Chains whose length is a multiple of several numbers: the smallest one is as long as their product. */
+    private static void cycles() {
+        int[][] forms = {{2, 3}, {4, 3, 5}, {2, 3, 5, 7}, {3, 4, 5, 7, 11}};
+        for (int[] form : forms) {
+            Formwarden f = new Formwarden();
+            int z = f.schema('z', 0, 0, 0);
+            int all = -1;
+            int product = 1;
+            int last = -1;
+            for (int i = 0; i < form.length; i++) {
+                int s = f.schema('r', i, 0, 0);
+                for (int k = 0; k < form[i]; k++) {
+                    int o = f.schema('o', 1, 0, 0);
+                    f.field(o, 0, s, true);
+                    s = o;
+                }
+                f.bind(i, f.schema('u', z, s, 0));
+                all = i == 0 ? s : f.schema('&', all, s, 0);
+                product *= form[i];
+                last = s;
+            }
+            least("cycles " + product, f, all, Math.min(product + 1, 1000));
+            gap("cycles in one " + product, f, all, last, 0);
+            gap("one in cycles " + product, f, last, all, form[form.length - 1] + 1);
+        }
+    }
+
+    /** Records of four symbols, and schemas each of which a symbol of three keeps away: twelve can be kept away. */
+    private static void manyRivals() {
+        for (int count = 11; count <= 15; count++) {
+            Formwarden f = new Formwarden();
+            int symbol = f.schema('s', 1023, 0, 0);
+            int base = f.schema('o', 1, 0, 0);
+            for (int label = 0; label < 4; label++) {
+                f.field(base, label, symbol, true);
+            }
+            int union = -1;
+            for (int i = 0; i < count; i++) {
+                int item = f.schema('s', 1023 & ~(1 << i / 3), 0, 0);
+                int o = f.schema('o', 0, 0, 0);
+                for (int label = 0; label < 4; label++) {
+                    f.field(o, label, item, false);
+                }
+                union = i == 0 ? o : f.schema('u', union, o, 0);
+            }
+            gap("rivals " + count, f, base, union, count <= 12 ? 5 : 0);
+        }
     }
 
     private static void wrong() {

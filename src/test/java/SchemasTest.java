@@ -15,6 +15,7 @@ public final class SchemasTest {
         nearest();
         remembered();
         many();
+        nearestOfMany();
         Check.end("SchemasTest");
     }
 
@@ -283,5 +284,69 @@ public final class SchemasTest {
         Check.due("the last", f.faultAt((1 << 21) - 1), 'k');
         Check.raises("no such", IndexOutOfBoundsException.class, () -> f.faultAt(1 << 21));
         Check.raises("no values", NoSuchElementException.class, () -> f.least(0));
+    }
+
+    /** A name for lists of what it names, each fault of which counts so many times doubled. */
+    private static int doubled(Formwarden f, int name, int times) {
+        int s = f.schema('l', f.schema('r', name, 0, 0), 0, 4);
+        for (int i = 0; i < times; i++) {
+            s = f.schema('&', s, s, 0);
+        }
+        f.bind(name, s);
+        return s;
+    }
+
+    /** What the first of the faults of a union is: there are up to 2^(6 times + 10) of them. */
+    private static void nearestOfMany() {
+        int[][] forms = {{0, 0}, {2, 0}, {2, 3}, {9, 8}, {8, 9}, {10, 10}, {13, 9}, {20, 20}, {21, 20}, {20, 21}, {40, 1}, {1, 40}};
+        for (int[] form : forms) {
+            Formwarden f = new Formwarden();
+            int one = doubled(f, 0, form[0]);
+            int other = doubled(f, 1, form[1]);
+            int none = f.schema('0', 0, 0, 0);
+            int more = f.schema('&', none, other, 0);
+            int ahead = f.schema('u', one, more, 0);
+            int behind = f.schema('u', more, one, 0);
+            int last = f.schema('&', other, none, 0);
+            boolean fewer = form[0] > form[1];
+            int v = f.value('z', 0);
+            for (int depth = 0; depth < 6; depth++) {
+                String what = form[0] + " and " + form[1] + " doubled at depth " + depth;
+                char due = fewer ? '0' : 'k';
+                f.faults(v, ahead);
+                Check.due(what, f.faultAt(0), due);
+                f.faults(v, behind);
+                Check.due(what + ", the other way round", f.faultAt(0), due);
+                int path = 0;
+                for (int i = 0; i < depth && due == 'k'; i++) {
+                    path = 10 * path + 5;
+                }
+                Check.due(what + ", the path", f.pathAt(0), path);
+                f.faults(v, last);
+                Check.due(what + ", the one with none last", f.faultAt(0), 'k');
+                Check.due(what + " borne out", f.isBorneOut(ahead, last), true);
+                v = depth < 5 ? f.list(v, v, v, v) : v;
+            }
+        }
+        equalMany();
+    }
+
+    /** Of as many, however many, the first one is told. */
+    private static void equalMany() {
+        Formwarden f = new Formwarden();
+        int s = doubled(f, 0, 20);
+        int none = f.schema('0', 0, 0, 0);
+        int first = f.schema('&', none, s, 0);
+        int second = f.schema('&', s, none, 0);
+        int one = f.schema('u', first, second, 0);
+        int other = f.schema('u', second, first, 0);
+        int v = f.value('b', 1);
+        for (int depth = 0; depth < 6; depth++) {
+            f.faults(v, one);
+            Check.due("as many, the first one: " + depth, f.faultAt(0), '0');
+            f.faults(v, other);
+            Check.due("as many, the second one: " + depth, f.faultAt(0), 'k');
+            v = depth < 5 ? f.list(v, v, v, v) : v;
+        }
     }
 }
