@@ -2254,10 +2254,10 @@ public final class Formwarden {
      * can't end within its bounds, the other one mostly can.
      */
     private static final class Search {
-        private static final int TURNS = 2;
-        private static final int[] ROWS = {2048, 65536};
-        private static final int[] PAIRS = {2000000, 200000000};
-        private static final int[] ASKED = {1000000, 30000000};
+        private static final int TURNS = 3;
+        private static final int[] ROWS = {512, 4096, 65536};
+        private static final int[] PAIRS = {200000, 5000000, 200000000};
+        private static final int[] ASKED = {100000, 2000000, 30000000};
         private static final int MOST_ROUNDS = 1000000;
         private static final int UNKNOWN = -1;
 
