@@ -2005,11 +2005,9 @@ public final class Formwarden {
             stack[1] = needs.no[needs.current];
             int high = 1;
             int[] shapes = kind == LISTS ? LENGTHS : PLACES;
-            for (int split = 0; high > 0; split++) {
-                if (split >= MOST_SPLITS || high > STACK) {
+            for (int split = 0; split <= MOST_SPLITS && high > 0; split++) {
+                if (left <= 0 || split == MOST_SPLITS || high > STACK) {
                     left = 0;
-                }
-                if (left <= 0) {
                     return;
                 }
                 high--;
