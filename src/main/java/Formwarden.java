@@ -1618,65 +1618,82 @@ public final class Formwarden {
     }
 
     /**
-     * What values must be of and must not be of, each pair once, with the smallest size found for it, and
-     * which of them have to be looked into: the newest first, and those that hang on others that were not
-     * yet settled once more, as long as a size gets smaller.
+     * What values must be of and must not be of, each pair once, with the smallest size found for it and
+     * the size below which it was looked into. On the trail are those to look into, the newest first;
+     * later come once more those that hang on others that were not settled, as long as something changes.
      */
     private static final class Needs {
         static final int ENDLESS = 1 << 20;
+        /** No list or record that is not empty is smaller. */
+        static final int LEAST_DEEP = 2;
         private static final int LEAST_ROOM = 64;
-        private static final int MOST_ROOM = 1 << 16;
+        private static final int MOST_ROOM = 1 << 17;
         private static final int GROWTH = 8;
+        private static final int IDLE = 0;
+        private static final int LISTED = 1;
+        private static final int BARREN = 2;
 
         long[] yes = new long[LEAST_ROOM];
         long[] no = new long[LEAST_ROOM];
-        int[] sizes = new int[LEAST_ROOM];
-        private byte[] settled = new byte[LEAST_ROOM];
+        private int[] sizes = new int[LEAST_ROOM];
+        private int[] reaches = new int[LEAST_ROOM];
+        private int[] marks = new int[LEAST_ROOM];
         private int[] slots = new int[2 * LEAST_ROOM];
         private int[] trail = new int[LEAST_ROOM];
         private int[] later = new int[LEAST_ROOM];
         private int count;
         private int trailCount;
         private int laterCount;
-        private boolean changed;
-        /** How many more may come in until the next look. */
-        private int fresh;
         private int edition = NONE;
-        /** Sizes from this one on are of no interest. */
-        private int bound;
+        private boolean changed;
+        /** Whether any size does, for it is only asked whether there is one. */
+        boolean isProof;
+        /** Whether what is looked into hangs on something that is not settled. */
+        private boolean isOpen;
+        /** How many more may come in until the next look. */
+        int fresh;
         /** The one that is looked into, or -1. */
         int current = NONE;
 
-        /** Keeps what is known, if it is of the same schemas and sizes; one more may come in. */
-        void start(int ofEdition, int ofBound) {
-            if (edition != ofEdition || bound != ofBound) {
-                clear();
+        /** Keeps what is known of the same schemas, unless that leaves little room. */
+        void begin(int ofEdition) {
+            drop();
+            if (edition != ofEdition || count > MOST_ROOM / 2) {
+                Arrays.fill(slots, 0);
+                count = 0;
             }
             edition = ofEdition;
-            bound = ofBound;
+        }
+
+        /** Starts a row of looks with an empty trail; one may come in. */
+        void start(boolean asProof) {
+            drop();
+            isProof = asProof;
             fresh = hasRoom(1) ? 1 : 0;
-            current = NONE;
         }
 
-        void stop() {
-            fresh = 0;
-            current = NONE;
-        }
-
-        void clear() {
-            Arrays.fill(slots, 0);
-            count = 0;
+        /** Takes off the lists what was not looked into to the end. */
+        void drop() {
+            for (int i = 0; i < trailCount; i++) {
+                forget(trail[i]);
+            }
+            for (int i = 0; i < laterCount; i++) {
+                forget(later[i]);
+            }
             trailCount = 0;
             laterCount = 0;
             changed = false;
+            current = NONE;
+            fresh = 0;
+        }
+
+        private void forget(int place) {
+            marks[place] = IDLE;
+            reaches[place] = 0;
         }
 
         boolean isBusy() {
             return trailCount + laterCount > 0;
-        }
-
-        boolean isSettled(int place) {
-            return settled[place] == 1;
         }
 
         private boolean hasRoom(int more) {
@@ -1690,7 +1707,8 @@ public final class Formwarden {
             yes = Arrays.copyOf(yes, room);
             no = Arrays.copyOf(no, room);
             sizes = Arrays.copyOf(sizes, room);
-            settled = Arrays.copyOf(settled, room);
+            reaches = Arrays.copyOf(reaches, room);
+            marks = Arrays.copyOf(marks, room);
             trail = Arrays.copyOf(trail, room);
             later = Arrays.copyOf(later, room);
             slots = new int[2 * room];
@@ -1727,30 +1745,60 @@ public final class Formwarden {
             yes[made] = must;
             no[made] = mustNot;
             sizes[made] = ENDLESS;
-            settled[made] = 0;
-            trail[trailCount] = made;
-            trailCount++;
+            reaches[made] = 0;
+            marks[made] = IDLE;
             count++;
-            fresh--;
             slots[slot] = count;
             return made;
         }
 
-        void lower(int size) {
-            if (size < bound && size < sizes[current]) {
-                sizes[current] = size;
-                changed = true;
+        /** The smallest size known at a place; if there may be a smaller one below the limit, it comes on the trail. */
+        int sizeAt(int place, int limit) {
+            if (place < 0) {
+                isOpen = true;
+                return ENDLESS;
             }
+            // A value is greater than its parts, so that asking for itself makes none that is smaller.
+            if (place == current || marks[place] == BARREN) {
+                return ENDLESS;
+            }
+            int known = sizes[place];
+            if (isEnough(known)) {
+                return known;
+            }
+            if (marks[place] == LISTED) {
+                isOpen = true;
+                changed |= limit > reaches[place];
+                reaches[place] = Math.max(limit, reaches[place]);
+                return known;
+            }
+            if (!isProof && (known <= reaches[place] || limit <= reaches[place])) {
+                return known < limit ? known : ENDLESS;
+            }
+            isOpen = true;
+            if (fresh > 0) {
+                fresh--;
+                marks[place] = LISTED;
+                reaches[place] = limit;
+                trail[trailCount] = place;
+                trailCount++;
+            }
+            return known;
         }
 
         /** Goes to the next one to look into, with room for so many new ones; false if there is none, or no room. */
         boolean goesOn(int more) {
+            if (trailCount == 0 && isProof && current >= 0 && sizes[current] < ENDLESS) {
+                // The last one is the question itself, and there is one.
+                drop();
+            }
             if (trailCount == 0) {
                 goBack();
             }
             boolean goes = trailCount > 0 && hasRoom(more);
             current = goes ? trail[trailCount - 1] : NONE;
             fresh = goes ? more : 0;
+            isOpen = false;
             return goes;
         }
 
@@ -1761,21 +1809,52 @@ public final class Formwarden {
                     trail[trailCount] = later[i];
                     trailCount++;
                 } else {
-                    settled[later[i]] = 1;
+                    settle(later[i]);
                 }
             }
             laterCount = 0;
             changed = false;
         }
 
-        /** Puts the current one away, if nothing came in that has to be looked into ahead of it. */
-        void done(boolean isOpen) {
+        private void settle(int place) {
+            marks[place] = isProof && sizes[place] == ENDLESS ? BARREN : IDLE;
+            reaches[place] = isProof ? 0 : reaches[place];
+        }
+
+        /** The size below which a smaller one than is known of the current one is of interest. */
+        int reach() {
+            return current < 0 ? 0 : Math.min(sizes[current], reaches[current]);
+        }
+
+        void lower(int size) {
+            if (current >= 0 && size < reach()) {
+                sizes[current] = size;
+                changed = true;
+            }
+        }
+
+        /** Whether a size needs no look for a smaller one. */
+        boolean isEnough(int size) {
+            return size <= LEAST_DEEP || (isProof && size < ENDLESS);
+        }
+
+        /**
+         * Puts the current one away, unless something came in that has to be looked into ahead of it. If
+         * its size is enough, what came in for it goes again.
+         */
+        void done(int size) {
+            boolean isEnough = isEnough(size);
+            for (int i = trailCount - 1; i >= 0 && isEnough && trail[i] != current; i--) {
+                forget(trail[i]);
+                trailCount--;
+            }
             if (trailCount == 0 || trail[trailCount - 1] != current) {
                 return;
             }
             trailCount--;
-            settled[current] = isOpen ? (byte) 0 : (byte) 1;
-            if (isOpen) {
+            if (isEnough || !isOpen) {
+                settle(current);
+            } else {
                 later[laterCount] = current;
                 laterCount++;
             }
@@ -1798,8 +1877,10 @@ public final class Formwarden {
         private static final int JOINS = 1;
         private static final int UNIONS = 2;
         private static final int MEETS = 3;
-        private static final int LEAST_DEEP = 2;
-        private static final int MOST_FRESH = 32;
+        private static final int FRESH = 32;
+        private static final int FRESH_PROOF = 8;
+        private static final int REACHES = 8;
+        private static final int LEAST_REACH = 4;
         private static final int MOST_LOOKS = 100000000;
         private static final int MOST_SPLITS = 1000000;
         private static final int STACK = 2 * MOST_SCHEMAS;
@@ -1826,22 +1907,17 @@ public final class Formwarden {
         private long no;
         private int best;
         private int left;
-        private boolean isOpen;
+        /** Whether the last answer is the smallest size, or that there is none. */
+        boolean isSure;
 
         Descent(Schemas book) {
             this.book = book;
             cone = new Cone(book);
         }
 
-        boolean isSure() {
-            return !needs.isBusy();
-        }
-
-        /** Gets ready for the schemas as they are; a new question drops what the last one left open. */
-        void prepare(boolean isNew) {
-            if (isNew && needs.isBusy()) {
-                needs.clear();
-            }
+        /** Gets ready for the schemas as they are. */
+        void prepare() {
+            needs.begin(book.edition);
             cone.prepareAll();
             Arrays.fill(groups, 0);
             Arrays.fill(nevers, book.never);
@@ -1979,24 +2055,37 @@ public final class Formwarden {
             singles.lower(cone.joinedUp(own), 1);
         }
 
-        /** The smallest size found, below the bound, of a value of a schema and not of another one; else ENDLESS. */
+        /**
+         * The smallest size found of a value of a schema and not of another one, or the bound, if none is
+         * smaller. First it is asked whether there is one at all, unless the bound tells so, and then for
+         * one below a size that doubles.
+         */
         int smallest(int schema, int other, int bound, int mostAsked) {
-            left = mostAsked;
-            needs.start(book.edition, bound);
-            cost(Cone.bit(schema), Cone.bit(other));
-            for (int look = 0; look < MOST_LOOKS && needs.goesOn(MOST_FRESH); look++) {
-                best = Math.min(needs.sizes[needs.current], bound);
-                isOpen = false;
-                lookInto(LISTS);
-                lookInto(RECORDS);
-                needs.lower(best);
-                if (left <= 0) {
-                    break;
+            int found = bound;
+            isSure = false;
+            boolean goesOn = true;
+            for (int turn = bound < Needs.ENDLESS ? 1 : 0; turn <= REACHES && goesOn; turn++) {
+                int reach = turn == 0 ? Needs.ENDLESS : Math.min(LEAST_REACH << turn, found);
+                left = mostAsked;
+                needs.start(turn == 0);
+                cost(Cone.bit(schema), Cone.bit(other), reach);
+                for (int look = 0; look < MOST_LOOKS && needs.goesOn(turn == 0 ? FRESH_PROOF : FRESH); look++) {
+                    best = needs.reach();
+                    lookInto(LISTS);
+                    lookInto(RECORDS);
+                    needs.lower(best);
+                    if (left <= 0) {
+                        break;
+                    }
+                    needs.done(best);
                 }
-                needs.done(isOpen && best > LEAST_DEEP);
+                boolean ended = !needs.isBusy();
+                found = Math.min(found, cost(Cone.bit(schema), Cone.bit(other), reach));
+                isSure = ended && (turn == 0 ? found == Needs.ENDLESS : found <= reach);
+                goesOn = !isSure && (turn == 0 || ended);
             }
-            needs.stop();
-            return cost(Cone.bit(schema), Cone.bit(other));
+            needs.drop();
+            return found;
         }
 
         /** Looks for smaller lists, or records, that meet what is asked for. */
@@ -2006,8 +2095,8 @@ public final class Formwarden {
             int high = 1;
             int[] shapes = kind == LISTS ? LENGTHS : PLACES;
             for (int split = 0; split <= MOST_SPLITS && high > 0; split++) {
-                if (left <= 0 || split == MOST_SPLITS || high > STACK) {
-                    left = 0;
+                left = split == MOST_SPLITS || high > STACK ? 0 : left;
+                if (isHalted()) {
                     return;
                 }
                 high--;
@@ -2022,12 +2111,22 @@ public final class Formwarden {
                 }
                 long those = yes & groups[ATOMS];
                 long others = no & groups[ATOMS] & ~nevers[kind];
-                for (int i = 0; i < shapes.length && left > 0; i++) {
+                for (int i = 0; i < shapes.length && !isHalted(); i++) {
                     if (1 + Long.bitCount(shapes[i]) < best) {
                         assign(0, opened(shapes[i], those, others));
                     }
                 }
             }
+        }
+
+        /** Whether the current look needs to go no further: it found enough, or has to wait for what came in. */
+        private boolean isHalted() {
+            return left <= 0 || needs.fresh <= 0 || needs.isEnough(best);
+        }
+
+        /** The size below which a part is of use, if all else has this size. */
+        private int limit(int others) {
+            return needs.isProof ? Needs.ENDLESS : best - others;
         }
 
         /** Puts both ways to meet an open choice on the stack. */
@@ -2068,7 +2167,8 @@ public final class Formwarden {
             int total = 1;
             for (int i = 0; i < MOST_PARTS && total < best; i++) {
                 twins[i] = twinOf(i, places);
-                costs[i] = (places >> i & 1) == 0 ? 0 : cost(wants[i], 0);
+                int behind = Integer.bitCount(places >> i >> 1);
+                costs[i] = (places >> i & 1) == 0 ? 0 : cost(wants[i], 0, limit(total + behind));
                 total += costs[i];
             }
             return total;
@@ -2116,7 +2216,7 @@ public final class Formwarden {
             for (int k = index; k < rivalCount && next == k && isMissed(rivals[k]); k++) {
                 next++;
             }
-            if (total >= best || left <= 0 || next > MOST_SCHEMAS) {
+            if (total >= best || next > MOST_SCHEMAS || isHalted()) {
                 return;
             }
             if (next >= rivalCount) {
@@ -2132,7 +2232,7 @@ public final class Formwarden {
                     long before = misses[i];
                     int was = costs[i];
                     misses[i] |= Cone.bit(item);
-                    costs[i] = cost(wants[i], misses[i]);
+                    costs[i] = cost(wants[i], misses[i], limit(total - was));
                     assign(next + 1, total - was + costs[i]);
                     misses[i] = before;
                     costs[i] = was;
@@ -2149,8 +2249,8 @@ public final class Formwarden {
             return false;
         }
 
-        /** The smallest size known of a value that is of all these and of none of those. */
-        private int cost(long must, long mustNot) {
+        /** The smallest size known of a value of all these and of none of those, as far as it is below the limit. */
+        private int cost(long must, long mustNot, int limit) {
             left--;
             for (int i = 0; i < singles.count; i++) {
                 if (((must & ~singles.keys[i]) | (mustNot & singles.keys[i])) == 0) {
@@ -2159,7 +2259,7 @@ public final class Formwarden {
             }
             yes = must;
             no = mustNot;
-            if (!ease(EITHER)) {
+            if (limit <= Needs.LEAST_DEEP || !ease(EITHER)) {
                 return Needs.ENDLESS;
             }
             boolean noList = ((yes & nevers[LISTS]) | (no & alwayses[LISTS])) != 0;
@@ -2171,14 +2271,7 @@ public final class Formwarden {
             }
             long keptYes = (yes & groups[ATOMS] & ~alwayses[kind]) | openUnions(kind);
             long keptNo = (no & (groups[ATOMS] | LIST | RECORD) & ~(nevers[kind] & groups[ATOMS])) | openMeets(kind);
-            int place = needs.placeOf(keptYes, keptNo);
-            if (place < 0) {
-                isOpen = true;
-                return Needs.ENDLESS;
-            }
-            // A value is greater than its parts, so that asking for itself makes none that is smaller.
-            isOpen |= place != needs.current && !needs.isSettled(place);
-            return place == needs.current ? Needs.ENDLESS : needs.sizes[place];
+            return needs.sizeAt(needs.placeOf(keptYes, keptNo), limit);
         }
 
         /** Adds all that follows for a value of this kind from what it is of and not of; false if that can't be. */
@@ -2302,9 +2395,9 @@ public final class Formwarden {
                 for (int turn = 0; turn < TURNS && !isSure; turn++) {
                     climb(ROWS[turn], PAIRS[turn]);
                     if (!isSure) {
-                        descent.prepare(turn == 0);
-                        best = Math.min(best, descent.smallest(schema, other, best, ASKED[turn]));
-                        isSure = descent.isSure();
+                        descent.prepare();
+                        best = descent.smallest(schema, other, best, ASKED[turn]);
+                        isSure = descent.isSure;
                     }
                 }
                 answers[place] = best == Needs.ENDLESS ? 0 : best;
