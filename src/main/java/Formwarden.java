@@ -1884,6 +1884,8 @@ public final class Formwarden {
         private static final int MOST_LOOKS = 100000000;
         private static final int MOST_SPLITS = 1000000;
         private static final int STACK = 2 * MOST_SCHEMAS;
+        /** On the stack: to be of, not to be of, and what of both another way covers already. */
+        private static final int WIDTH = 4;
         private static final int[] PLACES = {1, 2, 4, 8, 3, 5, 6, 9, 10, 12, 7, 11, 13, 14, 15};
         private static final int[] LENGTHS = {1, 3, 7, 15};
 
@@ -1896,7 +1898,7 @@ public final class Formwarden {
         private final long[] nevers = new long[3];
         private final long[] alwayses = new long[3];
         private final long[] groups = new long[4];
-        private final long[] stack = new long[2 * STACK + 4];
+        private final long[] stack = new long[WIDTH * (STACK + 2)];
         private final long[] wants = new long[MOST_PARTS];
         private final long[] misses = new long[MOST_PARTS];
         private final int[] costs = new int[MOST_PARTS];
@@ -1954,12 +1956,14 @@ public final class Formwarden {
                     groups[JOINS] |= own;
                     draw(at + 2, a, 2);
                     draw(at + 2, b, 2);
+                    draw(at, a == b ? a : NONE, 0);
                     break;
                 case '&':
                     groups[MEETS] |= own;
                     groups[JOINS] |= own;
                     draw(at, a, 0);
                     draw(at, b, 0);
+                    draw(at + 2, a == b ? a : NONE, 2);
                     break;
                 case '!':
                     groups[JOINS] |= own;
@@ -2090,8 +2094,7 @@ public final class Formwarden {
 
         /** Looks for smaller lists, or records, that meet what is asked for. */
         private void lookInto(int kind) {
-            stack[0] = needs.yes[needs.current];
-            stack[1] = needs.no[needs.current];
+            push(0, needs.yes[needs.current], needs.no[needs.current], 0, 0);
             int high = 1;
             int[] shapes = kind == LISTS ? LENGTHS : PLACES;
             for (int split = 0; split <= MOST_SPLITS && high > 0; split++) {
@@ -2100,13 +2103,14 @@ public final class Formwarden {
                     return;
                 }
                 high--;
-                yes = stack[2 * high];
-                no = stack[2 * high + 1];
-                if (!ease(kind)) {
+                yes = stack[WIDTH * high];
+                no = stack[WIDTH * high + 1];
+                if (!ease(nevers[kind] | stack[WIDTH * high + 2], alwayses[kind] | stack[WIDTH * high + 3])) {
                     continue;
                 }
                 if ((openUnions(kind) | openMeets(kind)) != 0) {
-                    high = split(kind, high);
+                    split(kind, high);
+                    high += 2;
                     continue;
                 }
                 long those = yes & groups[ATOMS];
@@ -2129,16 +2133,28 @@ public final class Formwarden {
             return needs.isProof ? Needs.ENDLESS : best - others;
         }
 
-        /** Puts both ways to meet an open choice on the stack. */
-        private int split(int kind, int high) {
+        /** Puts both ways to meet an open choice on the stack; the second way leaves out what the first one covers. */
+        private void split(int kind, int high) {
+            long barred = stack[WIDTH * high + 2];
+            long barredNot = stack[WIDTH * high + 3];
             long unions = openUnions(kind);
             int s = Long.numberOfTrailingZeros(unions != 0 ? unions : openMeets(kind));
-            for (int i = 0; i < 2; i++) {
-                long way = Cone.bit(i == 0 ? book.seconds[s] : book.firsts[s]);
-                stack[2 * (high + i)] = yes | (unions != 0 ? way : 0);
-                stack[2 * (high + i) + 1] = no | (unions != 0 ? 0 : way);
+            long first = Cone.bit(book.firsts[s]);
+            long second = Cone.bit(book.seconds[s]);
+            if (unions != 0) {
+                push(high, yes | second, no, barred | first, barredNot);
+                push(high + 1, yes | first, no, barred, barredNot);
+            } else {
+                push(high, yes, no | second, barred, barredNot | first);
+                push(high + 1, yes, no | first, barred, barredNot);
             }
-            return high + 2;
+        }
+
+        private void push(int at, long must, long mustNot, long barred, long barredNot) {
+            stack[WIDTH * at] = must;
+            stack[WIDTH * at + 1] = mustNot;
+            stack[WIDTH * at + 2] = barred;
+            stack[WIDTH * at + 3] = barredNot;
         }
 
         /** The size, so far, of a value with parts at these places; ENDLESS if there can't be one. */
@@ -2259,14 +2275,14 @@ public final class Formwarden {
             }
             yes = must;
             no = mustNot;
-            if (limit <= Needs.LEAST_DEEP || !ease(EITHER)) {
+            if (limit <= Needs.LEAST_DEEP || !ease(nevers[EITHER], alwayses[EITHER])) {
                 return Needs.ENDLESS;
             }
             boolean noList = ((yes & nevers[LISTS]) | (no & alwayses[LISTS])) != 0;
             boolean noRecord = ((yes & nevers[RECORDS]) | (no & alwayses[RECORDS])) != 0;
             int kind = noList ? RECORDS : noRecord ? LISTS : EITHER;
             no |= (noList ? LIST : 0) | (noRecord ? RECORD : 0);
-            if (!ease(kind)) {
+            if (!ease(nevers[kind], alwayses[kind])) {
                 return Needs.ENDLESS;
             }
             long keptYes = (yes & groups[ATOMS] & ~alwayses[kind]) | openUnions(kind);
@@ -2274,10 +2290,8 @@ public final class Formwarden {
             return needs.sizeAt(needs.placeOf(keptYes, keptNo), limit);
         }
 
-        /** Adds all that follows for a value of this kind from what it is of and not of; false if that can't be. */
-        private boolean ease(int kind) {
-            long never = nevers[kind];
-            long always = alwayses[kind];
+        /** Adds all that follows from what a value is of and not of, if it is never and always of these; false if it can't be. */
+        private boolean ease(long never, long always) {
             long knownYes = 0;
             long knownNo = 0;
             boolean grown = true;
