@@ -20,6 +20,7 @@ public final class InclusionTest {
         words();
         cycles();
         manyRivals();
+        doubled();
         wrong();
         Check.end("InclusionTest");
     }
@@ -548,6 +549,47 @@ public final class InclusionTest {
                 union = i == 0 ? o : f.schema('u', union, o, 0);
             }
             gap("rivals " + count, f, base, union, count <= 12 ? 5 : 0);
+        }
+    }
+
+    /** Joins of a schema with itself, and of each with the two ahead of it, are that schema; so are their contraries. */
+    private static void doubled() {
+        for (int form = 0; form < 8; form++) {
+            boolean covers = form >= 4;
+            Formwarden f = new Formwarden();
+            int symbol = f.schema('s', 1023, 0, 0);
+            int base = f.schema('o', 1, 0, 0);
+            int[] items = new int[3];
+            for (int i = 0; i < 3; i++) {
+                int bits = covers && i == 0 ? 1 << 8 | 1 : 0;
+                for (int s = 0; s < 10; s++) {
+                    bits |= (s >> i & 1) << s;
+                }
+                items[i] = f.schema('s', bits, 0, 0);
+            }
+            int union = -1;
+            for (int label = 0; label < 4; label++) {
+                f.field(base, label, symbol, true);
+                for (int item : items) {
+                    int o = f.schema('o', 0, 0, 0);
+                    f.field(o, label, item, true);
+                    union = union < 0 ? o : f.schema('u', union, o, 0);
+                }
+            }
+            int one = union;
+            int two = union;
+            for (int i = 0; i < 18; i++) {
+                int next = f.schema(form % 2 == 0 ? '&' : 'u', one, form % 4 < 2 ? one : two, 0);
+                two = one;
+                one = next;
+            }
+            int not = f.schema('!', one, 0, 0);
+            String what = "doubled " + form;
+            least(what, f, f.schema('&', base, not, 0), covers ? 0 : 5);
+            gap(what + " base in it", f, base, one, covers ? 0 : 5);
+            gap(what + " it in the union", f, one, union, 0);
+            gap(what + " the union in it", f, union, one, 0);
+            gap(what + " base in the contrary", f, base, not, 5);
         }
     }
 
