@@ -717,7 +717,10 @@ public final class Formwarden {
 
         /** The schema for the part at a place of a list or at a label, or -1. */
         int below(int schema, int index) {
-            return kinds[schema] == 'l' ? firsts[schema] : itemAt(schema, index);
+            if (kinds[schema] == 'l') {
+                return firsts[schema];
+            }
+            return index < 0 || index >= LABELS ? NONE : items[schema * LABELS + index];
         }
 
         /** The places of a list or the labels, as bits, at which something must be. */
@@ -1646,6 +1649,7 @@ public final class Formwarden {
         private int laterCount;
         private int edition = NONE;
         private boolean changed;
+        private int most;
         /** Whether any size does, for it is only asked whether there is one. */
         boolean isProof;
         /** Whether what is looked into hangs on something that is not settled. */
@@ -1665,10 +1669,11 @@ public final class Formwarden {
             edition = ofEdition;
         }
 
-        /** Starts a row of looks with an empty trail; one may come in. */
-        void start(boolean asProof) {
+        /** Starts a row of looks with an empty trail, for sizes below this one; one may come in. */
+        void start(int reach) {
             drop();
-            isProof = asProof;
+            most = reach;
+            isProof = reach == ENDLESS;
             fresh = hasRoom(1) ? 1 : 0;
         }
 
@@ -1769,7 +1774,7 @@ public final class Formwarden {
             if (marks[place] == LISTED) {
                 isOpen = true;
                 changed |= limit > reaches[place];
-                reaches[place] = Math.max(limit, reaches[place]);
+                reaches[place] = limit > reaches[place] ? raised(place, limit) : reaches[place];
                 return known;
             }
             if (!isProof && (known <= reaches[place] || limit <= reaches[place])) {
@@ -1779,11 +1784,16 @@ public final class Formwarden {
             if (fresh > 0) {
                 fresh--;
                 marks[place] = LISTED;
-                reaches[place] = limit;
+                reaches[place] = raised(place, limit);
                 trail[trailCount] = place;
                 trailCount++;
             }
             return known;
+        }
+
+        /** What was looked into ahead, and not far enough, is looked into twice as far. */
+        private int raised(int place, int limit) {
+            return Math.min(most, Math.max(limit, 2 * reaches[place]));
         }
 
         /** Goes to the next one to look into, with room for so many new ones; false if there is none, or no room. */
@@ -1899,12 +1909,12 @@ public final class Formwarden {
         private final long[] alwayses = new long[3];
         private final long[] groups = new long[4];
         private final long[] stack = new long[WIDTH * (STACK + 2)];
+        /** For each part: of what it must be, of what not, and of what others see to that it is not. */
         private final long[] wants = new long[MOST_PARTS];
         private final long[] misses = new long[MOST_PARTS];
+        private final long[] barred = new long[MOST_PARTS];
         private final int[] costs = new int[MOST_PARTS];
         private final int[] twins = new int[MOST_PARTS];
-        private final int[] rivals = new int[MOST_SCHEMAS];
-        private int rivalCount;
         private long yes;
         private long no;
         private int best;
@@ -2071,7 +2081,7 @@ public final class Formwarden {
             for (int turn = bound < Needs.ENDLESS ? 1 : 0; turn <= REACHES && goesOn; turn++) {
                 int reach = turn == 0 ? Needs.ENDLESS : Math.min(LEAST_REACH << turn, found);
                 left = mostAsked;
-                needs.start(turn == 0);
+                needs.start(reach);
                 cost(Cone.bit(schema), Cone.bit(other), reach);
                 for (int look = 0; look < MOST_LOOKS && needs.goesOn(turn == 0 ? FRESH_PROOF : FRESH); look++) {
                     best = needs.reach();
@@ -2117,7 +2127,7 @@ public final class Formwarden {
                 long others = no & groups[ATOMS] & ~nevers[kind];
                 for (int i = 0; i < shapes.length && !isHalted(); i++) {
                     if (1 + Long.bitCount(shapes[i]) < best) {
-                        assign(0, opened(shapes[i], those, others));
+                        assign(rivals(shapes[i], others), 0, opened(shapes[i], those, others));
                     }
                 }
             }
@@ -2157,10 +2167,27 @@ public final class Formwarden {
             stack[WIDTH * at + 3] = barredNot;
         }
 
+        /** Those that some part must keep a value with parts at these places from. */
+        private long rivals(int places, long others) {
+            long rivals = others;
+            long rest = others;
+            for (int n = 0; n < MOST_SCHEMAS && rest != 0; n++) {
+                int s = Long.numberOfTrailingZeros(rest);
+                rest &= rest - 1;
+                rivals &= takes(s, places) ? -1L : ~Cone.bit(s);
+            }
+            return rivals;
+        }
+
+        private boolean takes(int s, int places) {
+            return ((book.needed(s) & ~places) | (book.barred(s) & places)) == 0;
+        }
+
         /** The size, so far, of a value with parts at these places; ENDLESS if there can't be one. */
         private int opened(int places, long those, long others) {
             Arrays.fill(wants, 0);
             Arrays.fill(misses, 0);
+            Arrays.fill(barred, book.always);
             Arrays.fill(costs, 0);
             long rest = those;
             for (int n = 0; n < MOST_SCHEMAS && rest != 0; n++) {
@@ -2170,54 +2197,36 @@ public final class Formwarden {
                     return Needs.ENDLESS;
                 }
                 for (int i = 0; i < MOST_PARTS; i++) {
-                    wants[i] |= Cone.bit(book.below(s, i));
-                }
-            }
-            rivalCount = 0;
-            for (int ways = 0; ways <= MOST_PARTS; ways++) {
-                addRivals(places, others, ways);
-                if (ways == 0 && rivalCount > 0) {
-                    return Needs.ENDLESS;
+                    add(i, book.below(s, i), 0);
                 }
             }
             int total = 1;
             for (int i = 0; i < MOST_PARTS && total < best; i++) {
-                twins[i] = twinOf(i, places);
                 int behind = Integer.bitCount(places >> i >> 1);
-                costs[i] = (places >> i & 1) == 0 ? 0 : cost(wants[i], 0, limit(total + behind));
+                twins[i] = twinOf(i, places, others);
+                costs[i] = (places >> i & 1) == 0 ? 0 : cost(wants[i], misses[i], limit(total + behind));
                 total += costs[i];
             }
             return total;
         }
 
-        private boolean takes(int s, int places) {
-            return ((book.needed(s) & ~places) | (book.barred(s) & places)) == 0;
-        }
-
-        /** Adds those that some part must keep the value from, if there are so many places for it. */
-        private void addRivals(int places, long others, int ways) {
-            long rest = others;
-            for (int n = 0; n < MOST_SCHEMAS && rest != 0; n++) {
-                int s = Long.numberOfTrailingZeros(rest);
-                rest &= rest - 1;
-                int told = 0;
-                for (int i = 0; i < MOST_PARTS; i++) {
-                    int item = book.below(s, i);
-                    told += (places >> i & 1) == 1 && item >= 0 && !Cone.holds(book.always, item) ? 1 : 0;
-                }
-                if (told == ways && takes(s, places)) {
-                    rivals[rivalCount] = s;
-                    rivalCount++;
-                }
+        /** Adds to a part what it must be (0) or not be (2), and what follows. */
+        private void add(int part, int item, int not) {
+            if (item >= 0) {
+                wants[part] |= follows[4 * item + not];
+                misses[part] |= follows[4 * item + not + 1];
             }
         }
 
         /** The last place ahead of this one where all the same is asked for, or -1. */
-        private int twinOf(int place, int places) {
+        private int twinOf(int place, int places, long others) {
             for (int i = place - 1; i >= 0; i--) {
-                boolean same = (places >> i & 1) == 1 && wants[i] == wants[place];
-                for (int k = 0; k < rivalCount && same; k++) {
-                    same = book.below(rivals[k], i) == book.below(rivals[k], place);
+                boolean same = (places >> i & 1) == 1 && wants[i] == wants[place] && misses[i] == misses[place];
+                long rest = others;
+                for (int n = 0; n < MOST_SCHEMAS && rest != 0 && same; n++) {
+                    int s = Long.numberOfTrailingZeros(rest);
+                    rest &= rest - 1;
+                    same = book.below(s, i) == book.below(s, place);
                 }
                 if (same) {
                     return i;
@@ -2226,43 +2235,81 @@ public final class Formwarden {
             return NONE;
         }
 
-        /** Gives each rival from an index on a place where the part keeps the value from being of it. */
-        private void assign(int index, int total) {
-            int next = index;
-            for (int k = index; k < rivalCount && next == k && isMissed(rivals[k]); k++) {
-                next++;
-            }
-            if (total >= best || next > MOST_SCHEMAS || isHalted()) {
+        /**
+         * Gives each of these rivals a part that keeps the value from being of it, the one with the fewest
+         * ways first. What a way covers is barred from those behind it.
+         */
+        private void assign(long rivals, int touched, int total) {
+            if (total >= best || isHalted()) {
                 return;
             }
-            if (next >= rivalCount) {
+            int s = nextOf(rivals, touched);
+            if (s < 0) {
                 best = Math.min(total, MOST_SIZE);
                 return;
             }
-            int s = rivals[next];
+            long one = barred[0];
+            long two = barred[1];
+            long three = barred[2];
+            long four = barred[3];
             for (int i = 0; i < MOST_PARTS; i++) {
-                int item = book.below(s, i);
-                // Of places that nothing tells apart yet, one is as good as the other.
-                boolean isSpare = misses[i] == 0 && twins[i] >= 0 && misses[twins[i]] == 0;
-                if (costs[i] > 0 && item >= 0 && !isSpare) {
-                    long before = misses[i];
+                if (helps(s, i, touched)) {
+                    long wanted = wants[i];
+                    long missed = misses[i];
                     int was = costs[i];
-                    misses[i] |= Cone.bit(item);
-                    costs[i] = cost(wants[i], misses[i], limit(total - was));
-                    assign(next + 1, total - was + costs[i]);
-                    misses[i] = before;
+                    add(i, book.below(s, i), 2);
+                    if ((misses[i] & (barred[i] | wants[i])) == 0) {
+                        costs[i] = cost(wants[i], misses[i], limit(total - was));
+                        assign(rivals & ~Cone.bit(s), touched | 1 << i, total - was + costs[i]);
+                    }
+                    wants[i] = wanted;
+                    misses[i] = missed;
                     costs[i] = was;
+                    bar(s, i, touched);
                 }
             }
+            barred[0] = one;
+            barred[1] = two;
+            barred[2] = three;
+            barred[3] = four;
         }
 
-        private boolean isMissed(int s) {
-            for (int i = 0; i < MOST_PARTS; i++) {
-                if (Cone.holds(misses[i], book.below(s, i))) {
-                    return true;
+        /** The rival with the fewest ways left, or -1 if the value is kept from all of them. */
+        private int nextOf(long rivals, int touched) {
+            int next = NONE;
+            int fewest = MOST_PARTS + 1;
+            long rest = rivals;
+            for (int n = 0; n < MOST_SCHEMAS && rest != 0; n++) {
+                int s = Long.numberOfTrailingZeros(rest);
+                rest &= rest - 1;
+                int ways = 0;
+                for (int i = 0; i < MOST_PARTS; i++) {
+                    boolean isMissed = costs[i] > 0 && Cone.holds(misses[i], book.below(s, i));
+                    ways += isMissed ? MOST_PARTS + 1 : helps(s, i, touched) ? 1 : 0;
+                }
+                next = ways < fewest ? s : next;
+                fewest = Math.min(ways, fewest);
+            }
+            return next;
+        }
+
+        /** Whether the part at a place can keep the value from a rival, and no place that is as good comes ahead. */
+        private boolean helps(int s, int i, int touched) {
+            int item = book.below(s, i);
+            boolean isSpare = twins[i] >= 0 && (touched >> i & 1) == 0 && (touched >> twins[i] & 1) == 0;
+            return costs[i] > 0 && item >= 0 && !isSpare && !Cone.holds(wants[i] | barred[i], item);
+        }
+
+        /** Bars a way from now on, and those that are as good. */
+        private void bar(int s, int place, int touched) {
+            int those = 1 << place;
+            barred[place] |= Cone.bit(book.below(s, place));
+            for (int i = place + 1; i < MOST_PARTS && (touched >> place & 1) == 0; i++) {
+                if (twins[i] >= 0 && (those >> twins[i] & 1) == 1 && (touched >> i & 1) == 0) {
+                    those |= 1 << i;
+                    barred[i] |= Cone.bit(book.below(s, i));
                 }
             }
-            return false;
         }
 
         /** The smallest size known of a value of all these and of none of those, as far as it is below the limit. */
