@@ -1649,6 +1649,7 @@ public final class Formwarden {
         private int laterCount;
         private int edition = NONE;
         private boolean changed;
+        /** The size from which on nothing is asked for. */
         private int most;
         /** Whether any size does, for it is only asked whether there is one. */
         boolean isProof;
@@ -1659,19 +1660,15 @@ public final class Formwarden {
         /** The one that is looked into, or -1. */
         int current = NONE;
 
-        /** Keeps what is known of the same schemas, unless that leaves little room. */
-        void begin(int ofEdition) {
+        /** Starts a row of looks with an empty trail, for sizes below this one, with room for what is asked for. */
+        void start(int ofEdition, int reach) {
             drop();
+            // What is known of the same schemas is kept, unless that leaves little room.
             if (edition != ofEdition || count > MOST_ROOM / 2) {
                 Arrays.fill(slots, 0);
                 count = 0;
             }
             edition = ofEdition;
-        }
-
-        /** Starts a row of looks with an empty trail, for sizes below this one; one may come in. */
-        void start(int reach) {
-            drop();
             most = reach;
             isProof = reach == ENDLESS;
             fresh = hasRoom(1) ? 1 : 0;
@@ -1929,7 +1926,6 @@ public final class Formwarden {
 
         /** Gets ready for the schemas as they are. */
         void prepare() {
-            needs.begin(book.edition);
             cone.prepareAll();
             Arrays.fill(groups, 0);
             Arrays.fill(nevers, book.never);
@@ -2081,7 +2077,7 @@ public final class Formwarden {
             for (int turn = bound < Needs.ENDLESS ? 1 : 0; turn <= REACHES && goesOn; turn++) {
                 int reach = turn == 0 ? Needs.ENDLESS : Math.min(LEAST_REACH << turn, found);
                 left = mostAsked;
-                needs.start(reach);
+                needs.start(book.edition, reach);
                 cost(Cone.bit(schema), Cone.bit(other), reach);
                 for (int look = 0; look < MOST_LOOKS && needs.goesOn(turn == 0 ? FRESH_PROOF : FRESH); look++) {
                     best = needs.reach();
