@@ -13,17 +13,18 @@ public final class Formwarden {
     private static final int MOST_SIZE = 1000;
     private static final int NAMES = 6;
     private static final int ALL_PLACES = 15;
+    /** Where a part can stand: at a label, or, as the last place, in a list. */
+    private static final int IN_LIST = LABELS;
+    private static final int PLACES = LABELS + 1;
     private static final int NONE = -1;
 
     private final Values pool = new Values();
     private final Schemas book = new Schemas();
-    private final Members members = new Members(pool, book);
-    private final Faults lacks = new Faults(pool, book);
+    private final Verdicts verdicts = new Verdicts(pool, book);
     private final Schemas toldBook = new Schemas();
-    private final Faults told = new Faults(pool, toldBook);
-    private final Search search = new Search(book);
-    private final Lens lens = new Lens(pool);
-    private final Merger merger = new Merger(pool);
+    private final Verdicts told = new Verdicts(pool, toldBook);
+    private final Search search = new Search(book, pool, verdicts);
+    private final Views views = new Views(pool);
     private final Finder finder = new Finder(pool, book);
     private final int[] samples = new int[MOST_SAMPLES];
     private final int[] row = new int[MOST_PARTS];
@@ -162,7 +163,7 @@ public final class Formwarden {
     public boolean isOf(int value, int schema) throws IndexOutOfBoundsException {
         needValue(value);
         needSchema(schema);
-        return members.belongs(value, schema);
+        return verdicts.belongs(value, schema);
     }
 
     public int faults(int value, int schema) throws IndexOutOfBoundsException {
@@ -217,13 +218,13 @@ public final class Formwarden {
 
     public int step(char kind, int a, int b)
             throws IllegalArgumentException, IndexOutOfBoundsException, IllegalStateException {
-        if (!isLabel(a) || !Lens.takes(kind, a, b)) {
+        if (!isLabel(a) || !Views.takes(kind, a, b)) {
             throw new IllegalArgumentException("no such kind, label or symbol, or both labels are the same");
         }
         if (kind == 'a') {
             needValue(b);
         }
-        int steps = lens.add(kind, a, b);
+        int steps = views.add(kind, a, b);
         if (steps < 0) {
             throw new IllegalStateException("there are 8 steps");
         }
@@ -231,8 +232,8 @@ public final class Formwarden {
     }
 
     public int clearSteps() {
-        int before = lens.count;
-        lens.count = 0;
+        int before = views.count;
+        views.count = 0;
         return before;
     }
 
@@ -240,7 +241,7 @@ public final class Formwarden {
             throws IndexOutOfBoundsException, UnsupportedOperationException, IllegalStateException {
         needValue(record);
         pool.dropDrafts();
-        int made = lens.viewOf(record);
+        int made = views.viewOf(record);
         if (made < 0) {
             throw new UnsupportedOperationException("it is no record, a step does not fit, or it is too deep");
         }
@@ -252,7 +253,7 @@ public final class Formwarden {
         needValue(record);
         needValue(view);
         pool.dropDrafts();
-        int made = lens.viewOf(record) < 0 ? NONE : lens.putBack(view);
+        int made = views.viewOf(record) < 0 ? NONE : views.putBack(view);
         if (made < 0) {
             throw new UnsupportedOperationException("one is no record, a step does not fit, or it is too deep");
         }
@@ -264,8 +265,8 @@ public final class Formwarden {
         needValue(one);
         needValue(other);
         pool.dropDrafts();
-        int kept = kept(merger.merged(first, one, other));
-        clashes = merger.clashes;
+        int kept = kept(views.merged(first, one, other));
+        clashes = views.clashes;
         return kept;
     }
 
@@ -300,7 +301,7 @@ public final class Formwarden {
     public boolean fits(int schema) throws IndexOutOfBoundsException {
         needSchema(schema);
         for (int i = 0; i < sampleCount; i++) {
-            if (!members.belongs(samples[i], schema)) {
+            if (!verdicts.belongs(samples[i], schema)) {
                 return false;
             }
         }
@@ -323,7 +324,7 @@ public final class Formwarden {
         }
         int those = 0;
         for (int v = 0; v < pool.count; v++) {
-            if (members.belongs(v, schema)) {
+            if (verdicts.belongs(v, schema)) {
                 those++;
             }
         }
@@ -356,11 +357,11 @@ public final class Formwarden {
 
     /** Whether a value is as told of a schema and of its gap to another one, 0 if it is within. */
     private boolean bearsOut(int value, int schema, int other, int gapSize) {
-        boolean belongs = members.belongs(value, schema);
-        if (belongs != (lacks.howMany(value, schema) == 0)) {
+        boolean belongs = verdicts.belongs(value, schema);
+        if (belongs != (verdicts.howMany(value, schema) == 0)) {
             return false;
         }
-        return !belongs || members.belongs(value, other) || (gapSize > 0 && gapSize <= pool.sizes[value]);
+        return !belongs || verdicts.belongs(value, other) || (gapSize > 0 && gapSize <= pool.sizes[value]);
     }
 
     private void needValue(int value) {
@@ -596,15 +597,18 @@ public final class Formwarden {
 
     /** The schemas and what the names are bound to. */
     private static final class Schemas {
+        /** The sort of what all values are of. */
+        private static final int ALL = 1;
+
         final char[] kinds = new char[MOST_SCHEMAS];
         final int[] firsts = new int[MOST_SCHEMAS];
         final int[] seconds = new int[MOST_SCHEMAS];
         final int[] thirds = new int[MOST_SCHEMAS];
-        private final int[] items = new int[MOST_SCHEMAS * LABELS];
+        final int[] items = new int[MOST_SCHEMAS * LABELS];
         /** The labels, as bits, that must be there, and those that are told. */
         private final int[] musts = new int[MOST_SCHEMAS];
         private final int[] told = new int[MOST_SCHEMAS];
-        private final int[] bound = {NONE, NONE, NONE, NONE, NONE, NONE};
+        final int[] bound = {NONE, NONE, NONE, NONE, NONE, NONE};
         /** Each schema behind all that it is joined from without a list or record between. */
         final int[] order = new int[MOST_SCHEMAS];
         int count;
@@ -615,6 +619,11 @@ public final class Formwarden {
         long always;
         private int foldedEdition = NONE;
         private int foldedCount;
+        /** What schemas come to, as it is seen from how they are written: a number each, the contrary one with a minus. */
+        private final int[] sorts = new int[MOST_SCHEMAS];
+        private final int[] oldSorts = new int[MOST_SCHEMAS];
+        /** The first schema that comes to the same as each. */
+        final int[] stands = new int[MOST_SCHEMAS];
 
         boolean has(int schema) {
             return schema >= 0 && schema < count;
@@ -734,6 +743,11 @@ public final class Formwarden {
                 return ALL_PLACES & -(1 << thirds[schema]);
             }
             return firsts[schema] == 1 ? ALL_PLACES & ~told[schema] : 0;
+        }
+
+        /** The labels, as bits, of which a record schema tells something. */
+        int tells(int schema) {
+            return told[schema];
         }
 
         boolean isClosed(int schema) {
@@ -930,114 +944,163 @@ public final class Formwarden {
             System.arraycopy(other.order, 0, order, 0, MOST_SCHEMAS);
             count = other.count;
             edition = other.edition;
-        }
-    }
-
-    /** Which values are of which schemas, a bit for each schema, worked out once until a schema changes. */
-    private static final class Members {
-        private final Values pool;
-        private final Schemas book;
-        private final long[] bits = new long[MOST_VALUES];
-        private final int[] editions = new int[MOST_VALUES];
-        private final int[] filled = new int[MOST_VALUES];
-
-        Members(Values pool, Schemas book) {
-            this.pool = pool;
-            this.book = book;
+            foldedEdition = NONE;
         }
 
-        boolean belongs(int value, int schema) {
-            if (!pool.has(value) || !book.has(schema)) {
-                return false;
+        /** Becomes what another one tells, but where schemas come to the same by how they are written, the first one stands for all. */
+        void becomePlain(Schemas other) {
+            become(other);
+            fold();
+            Arrays.fill(sorts, 0);
+            boolean isStable = false;
+            for (int pass = 0; pass <= 2 * MOST_SCHEMAS && !isStable; pass++) {
+                isStable = sortOut();
             }
-            work(value, 1);
-            return hasBit(value, schema);
+            for (int s = 0; s < count && !isStable; s++) {
+                sorts[s] = ALL + 1 + s;
+            }
+            tellFirsts();
         }
 
-        private void work(int value, int depth) {
-            if (!pool.has(value) || depth > MOST_DEPTH) {
-                return;
-            }
-            if (editions[value] != book.edition) {
-                editions[value] = book.edition;
-                filled[value] = 0;
-                bits[value] = 0;
-            }
-            if (filled[value] >= book.count) {
-                return;
-            }
-            for (int i = 0; i < MOST_PARTS; i++) {
-                work(pool.at(value, i), depth + 1);
-            }
-            for (int i = filled[value]; i < book.count; i++) {
-                int schema = book.order[i];
-                if (isMember(value, schema)) {
-                    bits[value] |= 1L << schema;
+        /** Sorts schemas by how they are written, and by how what they are made of was sorted; returns whether all stayed the same. */
+        private boolean sortOut() {
+            System.arraycopy(sorts, 0, oldSorts, 0, MOST_SCHEMAS);
+            int most = ALL;
+            for (int i = 0; i < count; i++) {
+                int s = order[i];
+                sorts[s] = plainSort(s);
+                for (int k = 0; k < i && sorts[s] == 0; k++) {
+                    int t = order[k];
+                    sorts[s] = !isLike(s, t) ? 0 : (kinds[s] == 'u') == (kinds[t] == 'u') ? sorts[t] : -sorts[t];
+                }
+                if (sorts[s] == 0) {
+                    most++;
+                    sorts[s] = kinds[s] == 'u' ? -most : most;
                 }
             }
-            filled[value] = book.count;
+            for (int s = 0; s < count; s++) {
+                if (sorts[s] != oldSorts[s]) {
+                    return false;
+                }
+            }
+            return true;
         }
 
-        private boolean isMember(int value, int schema) {
-            char kind = book.kinds[schema];
-            int a = book.firsts[schema];
-            switch (kind) {
-                case 'a':
-                    return true;
-                case 'u':
-                    return hasBit(value, a) || hasBit(value, book.seconds[schema]);
-                case '&':
-                    return hasBit(value, a) && hasBit(value, book.seconds[schema]);
-                case '!':
-                    return !hasBit(value, a);
+        /** The sort of a schema that comes to the same as one that it is made of, or as all or none of the values; otherwise 0. */
+        private int plainSort(int s) {
+            int a = firsts[s];
+            int b = seconds[s];
+            if (isIn(never | always, s)) {
+                return isIn(always, s) ? ALL : -ALL;
+            }
+            switch (kinds[s]) {
                 case 'r':
-                    return hasBit(value, book.target(schema));
+                    return target(s) < 0 ? -ALL : sorts[target(s)];
+                case '!':
+                    return -sorts[a];
+                case 'u':
+                    return -metSort(-sorts[a], -sorts[b]);
+                case '&':
+                    return metSort(sorts[a], sorts[b]);
                 case 'l':
-                    return pool.kinds[value] == kind && isListOf(value, schema);
+                    return b > 0 && oldSorts[a] == -ALL ? -ALL : 0;
                 case 'o':
-                    return pool.kinds[value] == kind && isRecordOf(value, schema);
+                    return mustHaveNone(s) ? -ALL : 0;
                 default:
-                    return pool.kinds[value] == kind && book.takesNumber(schema, pool.numbers[value]);
+                    return 0;
             }
         }
 
-        private boolean hasBit(int value, int schema) {
-            return value >= 0 && schema >= 0 && (bits[value] >> schema & 1) == 1;
+        private static int metSort(int one, int other) {
+            if (one == -ALL || other == -ALL || one == -other) {
+                return -ALL;
+            }
+            if (one == ALL || one == other) {
+                return other;
+            }
+            return other == ALL ? one : 0;
         }
 
-        private boolean isListOf(int value, int schema) {
-            int length = pool.numbers[value];
-            if (length < book.seconds[schema] || length > book.thirds[schema]) {
+        private boolean mustHaveNone(int s) {
+            for (int label = 0; label < LABELS; label++) {
+                if (mustHave(s, label) && sortAt(s, label) == -ALL) {
+                    return true;
+                }
+            }
+            return false;
+        }
+
+        /** The sort of what can be at a label. */
+        private int sortAt(int s, int label) {
+            int item = items[s * LABELS + label];
+            return item >= 0 ? oldSorts[item] : firsts[s] == 1 ? -ALL : ALL;
+        }
+
+        /** Whether two schemas of which neither comes to less are written alike; a union is the contrary of a meet of contraries. */
+        private boolean isLike(int s, int t) {
+            char kind = kinds[s];
+            if (kind == 'u' || kind == '&') {
+                int sign = kind == kinds[t] ? 1 : -1;
+                int a = sign * sorts[firsts[s]];
+                int b = sign * sorts[seconds[s]];
+                int c = kinds[t] == 'u' || kinds[t] == '&' ? sorts[firsts[t]] : 0;
+                int d = c == 0 ? 0 : sorts[seconds[t]];
+                return (a == c && b == d) || (a == d && b == c);
+            }
+            if (kind != kinds[t]) {
                 return false;
             }
-            for (int i = 0; i < length; i++) {
-                if (!hasBit(pool.at(value, i), book.firsts[schema])) {
-                    return false;
-                }
+            switch (kind) {
+                case 'n':
+                    return firsts[s] == firsts[t] && seconds[s] == seconds[t];
+                case 's':
+                    return firsts[s] == firsts[t];
+                case 'l':
+                    return seconds[s] == seconds[t] && thirds[s] == thirds[t]
+                            && (thirds[s] == 0 || oldSorts[firsts[s]] == oldSorts[firsts[t]]);
+                case 'o':
+                    return musts[s] == musts[t] && sortAt(s, 0) == sortAt(t, 0) && sortAt(s, 1) == sortAt(t, 1)
+                            && sortAt(s, 2) == sortAt(t, 2) && sortAt(s, 3) == sortAt(t, 3);
+                default:
+                    return kind != '!' && kind != 'r';
             }
-            return true;
         }
 
-        private boolean isRecordOf(int value, int schema) {
-            for (int label = 0; label < LABELS; label++) {
-                int item = book.itemAt(schema, label);
-                int there = pool.at(value, label);
-                if (there < 0 ? book.mustHave(schema, label)
-                        : item < 0 ? book.isClosed(schema) : !hasBit(there, item)) {
-                    return false;
+        /** Tells of the first one of each sort instead of the others. */
+        private void tellFirsts() {
+            for (int i = count - 1; i >= 0; i--) {
+                int s = order[i];
+                for (int k = i; k >= 0; k--) {
+                    stands[s] = sorts[order[k]] == sorts[s] ? order[k] : stands[s];
                 }
             }
-            return true;
+            for (int s = 0; s < count; s++) {
+                if (kinds[s] == 'u' || kinds[s] == '&') {
+                    seconds[s] = stands[seconds[s]];
+                    firsts[s] = stands[firsts[s]];
+                } else if (kinds[s] == '!' || kinds[s] == 'l') {
+                    firsts[s] = stands[firsts[s]];
+                }
+                never |= sorts[s] == -ALL ? 1L << s : 0;
+                always |= sorts[s] == ALL ? 1L << s : 0;
+            }
+            for (int i = 0; i < count * LABELS; i++) {
+                items[i] = items[i] < 0 ? NONE : stands[items[i]];
+            }
+            for (int name = 0; name < NAMES; name++) {
+                bound[name] = bound[name] < 0 ? NONE : stands[bound[name]];
+            }
         }
     }
 
     /**
-     * What values lack. Faults can be more than could be listed, so they are counted for each value
+     * Which values are of which schemas, and what they lack, each worked out by its own rules, and once
+     * until a schema changes. Faults can be more than could be listed, so they are counted for each value
      * and schema, and the one at an index is sought down along the counts. A union asks which of two
      * counts is smaller, so they are kept in full, in digits of 60 bits: '&' can double a count some
      * fifty times on each of six levels.
      */
-    private static final class Faults {
+    private static final class Verdicts {
         private static final int DIGITS = 6;
         private static final int DIGIT_BITS = 60;
         private static final long MANY = 1L << DIGIT_BITS;
@@ -1045,6 +1108,7 @@ public final class Formwarden {
 
         private final Values pool;
         private final Schemas book;
+        private final long[] bits = new long[MOST_VALUES];
         private final long[] counts = new long[MOST_VALUES * MOST_SCHEMAS * DIGITS];
         private final int[] editions = new int[MOST_VALUES];
         private final int[] filled = new int[MOST_VALUES];
@@ -1055,16 +1119,17 @@ public final class Formwarden {
         char letter;
         int path;
 
-        Faults(Values pool, Schemas book) {
+        Verdicts(Values pool, Schemas book) {
             this.pool = pool;
             this.book = book;
         }
 
-        void remember(int ofValue, int ofSchema) {
+        boolean belongs(int ofValue, int ofSchema) {
+            if (!pool.has(ofValue) || !book.has(ofSchema)) {
+                return false;
+            }
             work(ofValue, 1);
-            value = ofValue;
-            schema = ofSchema;
-            remembered = (int) Math.min(counted(ofValue, ofSchema), Integer.MAX_VALUE);
+            return hasBit(ofValue, ofSchema);
         }
 
         /** The number of faults, or a greater one than any that is counted where there are more. */
@@ -1076,6 +1141,13 @@ public final class Formwarden {
             return counted(ofValue, ofSchema);
         }
 
+        void remember(int ofValue, int ofSchema) {
+            work(ofValue, 1);
+            value = ofValue;
+            schema = ofSchema;
+            remembered = (int) Math.min(counted(ofValue, ofSchema), Integer.MAX_VALUE);
+        }
+
         private void work(int v, int depth) {
             if (!pool.has(v) || depth > MOST_DEPTH) {
                 return;
@@ -1083,6 +1155,7 @@ public final class Formwarden {
             if (editions[v] != book.edition) {
                 editions[v] = book.edition;
                 filled[v] = 0;
+                bits[v] = 0;
             }
             if (filled[v] >= book.count) {
                 return;
@@ -1091,9 +1164,62 @@ public final class Formwarden {
                 work(pool.at(v, i), depth + 1);
             }
             for (int i = filled[v]; i < book.count; i++) {
-                count(v, book.order[i]);
+                int s = book.order[i];
+                bits[v] |= isMember(v, s) ? 1L << s : 0;
+                count(v, s);
             }
             filled[v] = book.count;
+        }
+
+        private boolean isMember(int v, int s) {
+            char kind = book.kinds[s];
+            int a = book.firsts[s];
+            switch (kind) {
+                case 'a':
+                    return true;
+                case 'u':
+                    return hasBit(v, a) || hasBit(v, book.seconds[s]);
+                case '&':
+                    return hasBit(v, a) && hasBit(v, book.seconds[s]);
+                case '!':
+                    return !hasBit(v, a);
+                case 'r':
+                    return hasBit(v, book.target(s));
+                case 'l':
+                    return pool.kinds[v] == kind && isListOf(v, s);
+                case 'o':
+                    return pool.kinds[v] == kind && isRecordOf(v, s);
+                default:
+                    return pool.kinds[v] == kind && book.takesNumber(s, pool.numbers[v]);
+            }
+        }
+
+        private boolean hasBit(int v, int s) {
+            return v >= 0 && s >= 0 && (bits[v] >> s & 1) == 1;
+        }
+
+        private boolean isListOf(int v, int s) {
+            int length = pool.numbers[v];
+            if (length < book.seconds[s] || length > book.thirds[s]) {
+                return false;
+            }
+            for (int i = 0; i < length; i++) {
+                if (!hasBit(pool.at(v, i), book.firsts[s])) {
+                    return false;
+                }
+            }
+            return true;
+        }
+
+        private boolean isRecordOf(int v, int s) {
+            for (int label = 0; label < LABELS; label++) {
+                int item = book.itemAt(s, label);
+                int there = pool.at(v, label);
+                if (there < 0 ? book.mustHave(s, label) : item < 0 ? book.isClosed(s) : !hasBit(there, item)) {
+                    return false;
+                }
+            }
+            return true;
         }
 
         private void count(int v, int s) {
@@ -1280,7 +1406,7 @@ public final class Formwarden {
         }
     }
 
-    /** What matters for one question about two schemas: the schemas that they are made of. */
+    /** What matters for one question: the schemas that it hangs on, and which of them take what. */
     private static final class Cone {
         private final Schemas book;
         private final int[] joins = new int[MOST_SCHEMAS];
@@ -1297,7 +1423,6 @@ public final class Formwarden {
         private int recordCount;
         private long around;
         private long always;
-        private long items;
         /** The schemas of which it helps to be, and those of which it helps not to be, for an answer. */
         long rising;
         long falling;
@@ -1314,17 +1439,17 @@ public final class Formwarden {
             return schema < 0 ? 0 : 1L << schema;
         }
 
-        /** Gathers what tells whether a value is of the schema and not of the other one, or -1. */
-        void prepare(int schema, int other) {
-            gather(schema, other);
+        /** Gathers what tells of how many of the first ones, and how few of the others, a value is. */
+        void prepare(long helpful, long harmful) {
+            rising = helpful & ~(book.always | book.never);
+            falling = harmful & ~(book.always | book.never);
+            around = rising | falling;
             sortAll();
         }
 
         /** Gathers all schemas. */
         void prepareAll() {
-            book.fold();
-            around = book.count == 0 ? 0 : -1L >>> (64 - book.count);
-            sortAll();
+            prepare(-1L, -1L);
         }
 
         private void sortAll() {
@@ -1333,7 +1458,6 @@ public final class Formwarden {
             listCount = 0;
             recordCount = 0;
             always = book.always;
-            items = 0;
             for (int i = 0; i < book.count; i++) {
                 int s = book.order[i];
                 if (holds(around & ~(book.always | book.never), s)) {
@@ -1348,31 +1472,7 @@ public final class Formwarden {
             }
         }
 
-        /** What is always or never met needs nothing else, and tells no values apart. */
-        private void gather(int schema, int other) {
-            book.fold();
-            long open = ~(book.always | book.never);
-            rising = bit(schema) & open;
-            falling = bit(other) & open;
-            boolean grown = true;
-            for (int pass = 0; pass <= 2 * MOST_SCHEMAS && grown; pass++) {
-                long before = rising;
-                long beforeFalling = falling;
-                for (int s = book.count - 1; s >= 0; s--) {
-                    boolean turns = book.kinds[s] == '!';
-                    long below = holds(rising | falling, s) ? (book.joined(s) | book.nested(s)) & open : 0;
-                    boolean rises = holds(rising, s);
-                    boolean falls = holds(falling, s);
-                    rising |= (turns ? falls : rises) ? below : 0;
-                    falling |= (turns ? rises : falls) ? below : 0;
-                }
-                grown = rising != before || falling != beforeFalling;
-            }
-            around = rising | falling;
-        }
-
         private void sort(int s) {
-            items |= book.nested(s);
             switch (book.kinds[s]) {
                 case 'l':
                     lists[listCount] = s;
@@ -1453,30 +1553,26 @@ public final class Formwarden {
             for (int i = 0; i < joinCount; i++) {
                 int s = joins[i];
                 char kind = book.kinds[s];
-                boolean one = holds(bits, kind == 'r' ? book.target(s) : book.firsts[s]);
-                boolean is = one;
+                // A name that is not bound is never met, and so it is not among the joins.
+                long one = bits >> (kind == 'r' ? book.bound[book.firsts[s]] : book.firsts[s]);
+                long is = one;
                 if (kind == 'u') {
-                    is = one || holds(bits, book.seconds[s]);
+                    is = one | bits >> book.seconds[s];
                 } else if (kind == '&') {
-                    is = one && holds(bits, book.seconds[s]);
+                    is = one & bits >> book.seconds[s];
                 } else if (kind == '!') {
-                    is = !one;
+                    is = ~one;
                 }
-                bits |= is ? bit(s) : 0;
+                bits |= (is & 1) << s;
             }
             return bits;
-        }
-
-        /** What others can see of a value that is a part of them. */
-        long asItem(long bits) {
-            return bits & items;
         }
 
         /** The list schemas that let a value be a part. */
         long asPart(long bits) {
             long those = 0;
             for (int i = 0; i < listCount; i++) {
-                those |= holds(bits, book.firsts[lists[i]]) ? bit(lists[i]) : 0;
+                those |= (bits >> book.firsts[lists[i]] & 1) << lists[i];
             }
             return those;
         }
@@ -1486,7 +1582,8 @@ public final class Formwarden {
             long those = untold[label];
             for (int i = 0; i < recordCount; i++) {
                 int s = records[i];
-                those |= holds(bits, book.itemAt(s, label)) ? bit(s) : 0;
+                int item = book.items[s * LABELS + label];
+                those |= item < 0 ? 0 : (bits >> item & 1) << s;
             }
             return those;
         }
@@ -1507,419 +1604,53 @@ public final class Formwarden {
         }
     }
 
-    /** Rows of bits, each once, with the smallest size found for it. */
-    private static final class Table {
-        private static final int LEAST_ROOM = 32;
-        private static final int MOST_ROOM = 1 << 16;
-        private static final int GROWTH = 8;
-        private static final int LOOKS = 32;
-
-        long[] keys = new long[LEAST_ROOM];
-        int[] sizes = new int[LEAST_ROOM];
-        private int[] homes = new int[LEAST_ROOM];
-        private int[] slots = new int[2 * LEAST_ROOM];
-        private long more;
-        private long fewer;
-        private int most;
-        int count;
-        /** Whether a row found no room. */
-        boolean spilled;
-
-        /** Empties the table for so many rows of bits of which it helps to have, and not to have, these. */
-        void start(long rising, long falling, int rows) {
-            more = rising;
-            fewer = falling;
-            most = Math.min(rows, MOST_ROOM);
-            spilled = false;
-            clear();
-        }
-
-        void clear() {
-            for (int i = 0; i < count; i++) {
-                slots[homes[i]] = 0;
-            }
-            count = 0;
-        }
-
-        /**
-         * Puts a row in, or makes its size smaller, if no other one serves as well. Returns whether the
-         * row tells something new, which a row without room does, too.
-         */
-        boolean lower(long key, int size) {
-            int slot = slotOf(key);
-            if (slots[slot] > 0) {
-                int at = slots[slot] - 1;
-                if (sizes[at] <= size) {
-                    return false;
-                }
-                sizes[at] = size;
-                return true;
-            }
-            if (isOutdone(key, size)) {
-                return false;
-            }
-            if (count >= most) {
-                spilled = true;
-                return true;
-            }
-            if (count >= keys.length) {
-                grow();
-                slot = slotOf(key);
-            }
-            insert(slot, key, size);
-            return true;
-        }
-
-        /** Looks at a few rows only: leaving a row in that others outdo costs time and nothing else. */
-        private boolean isOutdone(long key, int size) {
-            if (more == fewer) {
-                return false;
-            }
-            int looks = Math.min(count, LOOKS);
-            for (int i = 0; i < looks; i++) {
-                long missing = key & ~keys[i] & more;
-                long excess = keys[i] & ~key & fewer;
-                if ((missing | excess) == 0 && sizes[i] <= size) {
-                    return true;
-                }
-            }
-            return false;
-        }
-
-        private void insert(int slot, long key, int size) {
-            keys[count] = key;
-            sizes[count] = size;
-            homes[count] = slot;
-            count++;
-            slots[slot] = count;
-        }
-
-        /** The slot that a key has or would get; there are always free ones. */
-        private int slotOf(long key) {
-            long mixed = key * 0x9E3779B97F4A7C15L;
-            int mask = slots.length - 1;
-            int slot = (int) (mixed >>> 32) & mask;
-            for (int i = 0; i < slots.length && slots[slot] > 0 && keys[slots[slot] - 1] != key; i++) {
-                slot = (slot + 1) & mask;
-            }
-            return slot;
-        }
-
-        /** Grows by much, for the arrays that are left behind count as well. */
-        private void grow() {
-            int room = Math.min(GROWTH * keys.length, MOST_ROOM);
-            keys = Arrays.copyOf(keys, room);
-            sizes = Arrays.copyOf(sizes, room);
-            homes = Arrays.copyOf(homes, room);
-            slots = new int[2 * room];
-            for (int i = 0; i < count; i++) {
-                int slot = slotOf(keys[i]);
-                homes[i] = slot;
-                slots[slot] = i + 1;
-            }
-        }
-    }
-
-    /**
-     * What values must be of and must not be of, each pair once, with the smallest size found for it and
-     * the size below which it was looked into. On the trail are those to look into, the newest first;
-     * later come once more those that hang on others that were not settled, as long as something changes.
-     */
-    private static final class Needs {
-        static final int ENDLESS = 1 << 20;
-        /** No list or record that is not empty is smaller. */
-        static final int LEAST_DEEP = 2;
-        private static final int LEAST_ROOM = 64;
-        private static final int MOST_ROOM = 1 << 17;
-        private static final int GROWTH = 8;
-        private static final int IDLE = 0;
-        private static final int LISTED = 1;
-        private static final int BARREN = 2;
-
-        long[] yes = new long[LEAST_ROOM];
-        long[] no = new long[LEAST_ROOM];
-        private int[] sizes = new int[LEAST_ROOM];
-        private int[] reaches = new int[LEAST_ROOM];
-        private int[] marks = new int[LEAST_ROOM];
-        private int[] slots = new int[2 * LEAST_ROOM];
-        private int[] trail = new int[LEAST_ROOM];
-        private int[] later = new int[LEAST_ROOM];
-        private int count;
-        private int trailCount;
-        private int laterCount;
-        private int edition = NONE;
-        private boolean changed;
-        /** The size from which on nothing is asked for. */
-        private int most;
-        /** Whether any size does, for it is only asked whether there is one. */
-        boolean isProof;
-        /** Whether what is looked into hangs on something that is not settled. */
-        private boolean isOpen;
-        /** How many more may come in until the next look. */
-        int fresh;
-        /** The one that is looked into, or -1. */
-        int current = NONE;
-
-        /** Starts a row of looks with an empty trail, for sizes below this one, with room for what is asked for. */
-        void start(int ofEdition, int reach) {
-            drop();
-            // What is known of the same schemas is kept, unless that leaves little room.
-            if (edition != ofEdition || count > MOST_ROOM / 2) {
-                Arrays.fill(slots, 0);
-                count = 0;
-            }
-            edition = ofEdition;
-            most = reach;
-            isProof = reach == ENDLESS;
-            fresh = hasRoom(1) ? 1 : 0;
-        }
-
-        /** Takes off the lists what was not looked into to the end. */
-        void drop() {
-            for (int i = 0; i < trailCount; i++) {
-                forget(trail[i]);
-            }
-            for (int i = 0; i < laterCount; i++) {
-                forget(later[i]);
-            }
-            trailCount = 0;
-            laterCount = 0;
-            changed = false;
-            current = NONE;
-            fresh = 0;
-        }
-
-        private void forget(int place) {
-            marks[place] = IDLE;
-            reaches[place] = 0;
-        }
-
-        boolean isBusy() {
-            return trailCount + laterCount > 0;
-        }
-
-        private boolean hasRoom(int more) {
-            if (count + more <= yes.length) {
-                return true;
-            }
-            int room = Math.min(GROWTH * yes.length, MOST_ROOM);
-            if (count + more > room) {
-                return false;
-            }
-            yes = Arrays.copyOf(yes, room);
-            no = Arrays.copyOf(no, room);
-            sizes = Arrays.copyOf(sizes, room);
-            reaches = Arrays.copyOf(reaches, room);
-            marks = Arrays.copyOf(marks, room);
-            trail = Arrays.copyOf(trail, room);
-            later = Arrays.copyOf(later, room);
-            slots = new int[2 * room];
-            for (int i = 0; i < count; i++) {
-                slots[slotOf(yes[i], no[i])] = i + 1;
-            }
-            return true;
-        }
-
-        private int slotOf(long must, long mustNot) {
-            long mixed = (must * 0x9E3779B97F4A7C15L ^ mustNot) * 0xC2B2AE3D27D4EB4FL;
-            int mask = slots.length - 1;
-            int slot = (int) (mixed >>> 32) & mask;
-            for (int i = 0; i < slots.length && slots[slot] > 0; i++) {
-                int there = slots[slot] - 1;
-                if (yes[there] == must && no[there] == mustNot) {
-                    return slot;
-                }
-                slot = (slot + 1) & mask;
-            }
-            return slot;
-        }
-
-        /** The place of a pair, which may be new, or -1 if no more may come in now. */
-        int placeOf(long must, long mustNot) {
-            int slot = slotOf(must, mustNot);
-            if (slots[slot] > 0) {
-                return slots[slot] - 1;
-            }
-            if (fresh <= 0 || count >= yes.length) {
-                return NONE;
-            }
-            int made = count;
-            yes[made] = must;
-            no[made] = mustNot;
-            sizes[made] = ENDLESS;
-            reaches[made] = 0;
-            marks[made] = IDLE;
-            count++;
-            slots[slot] = count;
-            return made;
-        }
-
-        /** The smallest size known at a place; if there may be a smaller one below the limit, it comes on the trail. */
-        int sizeAt(int place, int limit) {
-            if (place < 0) {
-                isOpen = true;
-                return ENDLESS;
-            }
-            // A value is greater than its parts, so that asking for itself makes none that is smaller.
-            if (place == current || marks[place] == BARREN) {
-                return ENDLESS;
-            }
-            int known = sizes[place];
-            if (isEnough(known)) {
-                return known;
-            }
-            if (marks[place] == LISTED) {
-                isOpen = true;
-                changed |= limit > reaches[place];
-                reaches[place] = limit > reaches[place] ? raised(place, limit) : reaches[place];
-                return known;
-            }
-            if (!isProof && (known <= reaches[place] || limit <= reaches[place])) {
-                return known < limit ? known : ENDLESS;
-            }
-            isOpen = true;
-            if (fresh > 0) {
-                fresh--;
-                marks[place] = LISTED;
-                reaches[place] = raised(place, limit);
-                trail[trailCount] = place;
-                trailCount++;
-            }
-            return known;
-        }
-
-        /** What was looked into ahead, and not far enough, is looked into twice as far. */
-        private int raised(int place, int limit) {
-            return Math.min(most, Math.max(limit, 2 * reaches[place]));
-        }
-
-        /** Goes to the next one to look into, with room for so many new ones; false if there is none, or no room. */
-        boolean goesOn(int more) {
-            if (trailCount == 0 && isProof && current >= 0 && sizes[current] < ENDLESS) {
-                // The last one is the question itself, and there is one.
-                drop();
-            }
-            if (trailCount == 0) {
-                goBack();
-            }
-            boolean goes = trailCount > 0 && hasRoom(more);
-            current = goes ? trail[trailCount - 1] : NONE;
-            fresh = goes ? more : 0;
-            isOpen = false;
-            return goes;
-        }
-
-        /** Takes up again those that hang on others, or settles them, if nothing changed meanwhile. */
-        private void goBack() {
-            for (int i = laterCount - 1; i >= 0; i--) {
-                if (changed) {
-                    trail[trailCount] = later[i];
-                    trailCount++;
-                } else {
-                    settle(later[i]);
-                }
-            }
-            laterCount = 0;
-            changed = false;
-        }
-
-        private void settle(int place) {
-            marks[place] = isProof && sizes[place] == ENDLESS ? BARREN : IDLE;
-            reaches[place] = isProof ? 0 : reaches[place];
-        }
-
-        /** The size below which a smaller one than is known of the current one is of interest. */
-        int reach() {
-            return current < 0 ? 0 : Math.min(sizes[current], reaches[current]);
-        }
-
-        void lower(int size) {
-            if (current >= 0 && size < reach()) {
-                sizes[current] = size;
-                changed = true;
-            }
-        }
-
-        /** Whether a size needs no look for a smaller one. */
-        boolean isEnough(int size) {
-            return size <= LEAST_DEEP || (isProof && size < ENDLESS);
-        }
-
-        /**
-         * Puts the current one away, unless something came in that has to be looked into ahead of it. If
-         * its size is enough, what came in for it goes again.
-         */
-        void done(int size) {
-            boolean isEnough = isEnough(size);
-            for (int i = trailCount - 1; i >= 0 && isEnough && trail[i] != current; i--) {
-                forget(trail[i]);
-                trailCount--;
-            }
-            if (trailCount == 0 || trail[trailCount - 1] != current) {
-                return;
-            }
-            trailCount--;
-            if (isEnough || !isOpen) {
-                settle(current);
-            } else {
-                later[laterCount] = current;
-                laterCount++;
-            }
-        }
-    }
-
-    /**
-     * Finds smallest values from the question down: what a value must and must not be of is split until
-     * lists and records alone are left, and these ask the same of the parts. A value of size 1 is looked
-     * for first, so all else is about lists and records that are not empty.
-     */
-    private static final class Descent {
-        private static final int EITHER = 0;
-        private static final int LISTS = 1;
-        private static final int RECORDS = 2;
+    /** What follows for one value from what it must be of and must not be of, as far as the joins tell. */
+    private static final class Logic {
+        static final int EITHER = 0;
+        static final int LISTS = 1;
+        static final int RECORDS = 2;
         /** Two bits behind the schemas: to be a list, and to be a record. */
-        private static final long LIST = 1L << MOST_SCHEMAS;
-        private static final long RECORD = 2L << MOST_SCHEMAS;
+        static final long LIST = 1L << MOST_SCHEMAS;
+        static final long RECORD = 2L << MOST_SCHEMAS;
         private static final int ATOMS = 0;
         private static final int JOINS = 1;
         private static final int UNIONS = 2;
         private static final int MEETS = 3;
-        private static final int FRESH = 32;
-        private static final int FRESH_PROOF = 8;
-        private static final int REACHES = 8;
-        private static final int LEAST_REACH = 4;
-        private static final int MOST_LOOKS = 100000000;
-        private static final int MOST_SPLITS = 1000000;
         private static final int STACK = 2 * MOST_SCHEMAS;
-        /** On the stack: to be of, not to be of, and what of both another way covers already. */
         private static final int WIDTH = 4;
-        private static final int[] PLACES = {1, 2, 4, 8, 3, 5, 6, 9, 10, 12, 7, 11, 13, 14, 15};
-        private static final int[] LENGTHS = {1, 3, 7, 15};
+        private static final int MOST_WAYS = 10000000;
 
         private final Schemas book;
         private final Cone cone;
-        private final Needs needs = new Needs();
-        private final Table singles = new Table();
+        /** The values of size 1, by the schemas that they are of. */
+        private final long[] singles = new long[4 * MOST_SCHEMAS];
+        private int singleCount;
         /** What follows from being of a schema, and what that bars; then both for not being of it. */
-        private final long[] follows = new long[4 * MOST_SCHEMAS];
-        private final long[] nevers = new long[3];
-        private final long[] alwayses = new long[3];
+        final long[] follows = new long[4 * MOST_SCHEMAS];
+        /** What lists and records that are not empty are never and always of, as it is seen. */
+        final long[] nevers = new long[3];
+        final long[] alwayses = new long[3];
+        /** The schemas that tell of the same value, in the same sense and in the contrary one. */
+        final long[] senses = new long[2 * MOST_SCHEMAS];
+        /** For each place: the schemas that want something there, those that something there can be against .. */
+        final long[] needing = new long[PLACES];
+        final long[] minding = new long[PLACES];
+        /** .. those that tell anything of it, and those that let nothing be there. */
+        final long[] telling = new long[PLACES];
+        final long[] shut = new long[PLACES];
         private final long[] groups = new long[4];
+        /** The ways that are left: to be of, not to be of, and what of both another way covers already. */
         private final long[] stack = new long[WIDTH * (STACK + 2)];
-        /** For each part: of what it must be, of what not, and of what others see to that it is not. */
-        private final long[] wants = new long[MOST_PARTS];
-        private final long[] misses = new long[MOST_PARTS];
-        private final long[] barred = new long[MOST_PARTS];
-        private final int[] costs = new int[MOST_PARTS];
-        private final int[] twins = new int[MOST_PARTS];
-        private long yes;
-        private long no;
-        private int best;
-        private int left;
-        /** Whether the last answer is the smallest size, or that there is none. */
-        boolean isSure;
+        private int high;
+        private int kind;
+        private int splits;
+        /** What a value must be of and must not be of. */
+        long yes;
+        long no;
+        /** Whether choices were left open, for there were too many ways. */
+        boolean isCut;
 
-        Descent(Schemas book) {
+        Logic(Schemas book) {
             this.book = book;
             cone = new Cone(book);
         }
@@ -1927,7 +1658,12 @@ public final class Formwarden {
         /** Gets ready for the schemas as they are. */
         void prepare() {
             cone.prepareAll();
+            addSingles();
             Arrays.fill(groups, 0);
+            Arrays.fill(shut, 0);
+            Arrays.fill(needing, 0);
+            Arrays.fill(minding, 0);
+            Arrays.fill(telling, 0);
             Arrays.fill(nevers, book.never);
             Arrays.fill(alwayses, book.always);
             nevers[LISTS] |= RECORD;
@@ -1937,6 +1673,7 @@ public final class Formwarden {
             for (int i = 0; i < book.count; i++) {
                 int s = book.order[i];
                 follow(s);
+                sense(s);
                 for (int kind = LISTS; kind <= RECORDS; kind++) {
                     nevers[kind] |= isNever(s, kind) ? Cone.bit(s) : 0;
                     alwayses[kind] |= isAlways(s, kind) ? Cone.bit(s) : 0;
@@ -1944,7 +1681,6 @@ public final class Formwarden {
             }
             nevers[EITHER] = nevers[LISTS] & nevers[RECORDS];
             alwayses[EITHER] = alwayses[LISTS] & alwayses[RECORDS];
-            addSingles();
         }
 
         private void follow(int s) {
@@ -1986,6 +1722,7 @@ public final class Formwarden {
                     break;
                 default:
                     groups[ATOMS] |= own;
+                    sortPlaces(s);
                     break;
             }
         }
@@ -1996,6 +1733,76 @@ public final class Formwarden {
                 follows[at] |= follows[4 * other + not];
                 follows[at + 1] |= follows[4 * other + not + 1];
             }
+        }
+
+        /** Gathers the schemas that a schema is joined from. */
+        private void sense(int s) {
+            boolean isFolded = Cone.holds(book.never | book.always, s);
+            long rest = isFolded ? 0 : book.joined(s);
+            senses[2 * s] = isFolded ? 0 : Cone.bit(s);
+            senses[2 * s + 1] = 0;
+            for (int i = 0; i < MOST_PARTS && rest != 0; i++) {
+                int a = Long.numberOfTrailingZeros(rest);
+                rest &= rest - 1;
+                int turn = book.kinds[s] == '!' ? 1 : 0;
+                senses[2 * s] |= senses[2 * a + turn];
+                senses[2 * s + 1] |= senses[2 * a + 1 - turn];
+            }
+        }
+
+        /** Sorts a schema of lists or records by what it tells of the places in them. */
+        private void sortPlaces(int s) {
+            long own = Cone.bit(s);
+            if (book.kinds[s] == 'l') {
+                needing[IN_LIST] |= book.seconds[s] > 0 ? own : 0;
+                minding[IN_LIST] |= own;
+                telling[IN_LIST] |= own;
+            }
+            for (int label = 0; label < LABELS && book.kinds[s] == 'o'; label++) {
+                int item = book.itemAt(s, label);
+                boolean isBarred = (book.barred(s) >> label & 1) == 1;
+                shut[label] |= isBarred || Cone.holds(book.never, item) ? own : 0;
+                needing[label] |= book.mustHave(s, label) ? own : 0;
+                telling[label] |= isBarred || item >= 0 ? own : 0;
+                minding[label] |= isBarred || (item >= 0 && !Cone.holds(book.always, item)) ? own : 0;
+            }
+        }
+
+        private void addSingles() {
+            singleCount = 0;
+            addSingle(cone.ofLeaf('z', 0));
+            addSingle(cone.ofLeaf('b', 0));
+            addSingle(cone.taking(0));
+            addSingle(cone.withoutLabel(0) & cone.withoutLabel(1) & cone.withoutLabel(2) & cone.withoutLabel(3));
+            for (int symbol = 0; symbol <= 9; symbol++) {
+                addSingle(cone.ofLeaf('s', symbol));
+            }
+            for (int i = 0; i < cone.breaks(); i++) {
+                addSingle(cone.ofLeaf('n', cone.breakAt(i)));
+            }
+        }
+
+        private void addSingle(long own) {
+            long bits = cone.joinedUp(own);
+            for (int i = 0; i < singleCount; i++) {
+                if (singles[i] == bits) {
+                    return;
+                }
+            }
+            if (singleCount < singles.length) {
+                singles[singleCount] = bits;
+                singleCount++;
+            }
+        }
+
+        /** Whether a value of size 1 is of all these and of none of those. */
+        boolean hasSingle(long must, long mustNot) {
+            for (int i = 0; i < singleCount; i++) {
+                if (((must & ~singles[i]) | (mustNot & singles[i])) == 0) {
+                    return true;
+                }
+            }
+            return false;
         }
 
         /** Whether no list, or no record, but perhaps the empty one is of a schema, by how it is written. */
@@ -2047,42 +1854,1279 @@ public final class Formwarden {
             }
         }
 
-        private void addSingles() {
-            singles.start(0, 0, 4 * MOST_SCHEMAS);
-            addSingle(cone.ofLeaf('z', 0));
-            addSingle(cone.ofLeaf('b', 0));
-            addSingle(cone.taking(0));
-            addSingle(cone.withoutLabel(0) & cone.withoutLabel(1) & cone.withoutLabel(2) & cone.withoutLabel(3));
-            for (int symbol = 0; symbol <= 9; symbol++) {
-                addSingle(cone.ofLeaf('s', symbol));
+        /** Adds all that follows, if the value is never and always of these; false if it can't be. */
+        boolean ease(long never, long always) {
+            long knownYes = 0;
+            long knownNo = 0;
+            boolean grown = true;
+            for (int pass = 0; pass <= 2 * MOST_SCHEMAS && grown; pass++) {
+                long freshYes = yes & groups[JOINS] & ~knownYes;
+                long freshNo = no & groups[JOINS] & ~knownNo;
+                for (int i = 0; i < 2 * MOST_SCHEMAS && (freshYes | freshNo) != 0; i++) {
+                    int at = freshYes != 0 ? 4 * Long.numberOfTrailingZeros(freshYes)
+                            : 4 * Long.numberOfTrailingZeros(freshNo) + 2;
+                    freshNo &= freshYes != 0 ? -1L : freshNo - 1;
+                    freshYes &= freshYes - 1;
+                    yes |= follows[at];
+                    no |= follows[at + 1];
+                }
+                if (((yes & (no | never)) | (no & always)) != 0) {
+                    return false;
+                }
+                knownYes = yes;
+                knownNo = no;
+                yes |= drawnFrom(yes & groups[UNIONS], no | never);
+                no |= drawnFrom(no & groups[MEETS], yes | always);
+                grown = yes != knownYes || no != knownNo;
             }
-            for (int i = 0; i < cone.breaks(); i++) {
-                addSingle(cone.ofLeaf('n', cone.breakAt(i)));
+            return true;
+        }
+
+        /** Of each choice one side of which is ruled out, the other side. */
+        private long drawnFrom(long choices, long ruledOut) {
+            long drawn = 0;
+            long rest = choices;
+            for (int i = 0; i < MOST_SCHEMAS && rest != 0; i++) {
+                int s = Long.numberOfTrailingZeros(rest);
+                rest &= rest - 1;
+                drawn |= (ruledOut >> book.firsts[s] & 1) << book.seconds[s];
+                drawn |= (ruledOut >> book.seconds[s] & 1) << book.firsts[s];
+            }
+            return drawn;
+        }
+
+        /** Those that tell of a value of their own kind, among what it must be of. */
+        long those() {
+            return yes & groups[ATOMS];
+        }
+
+        /** Those that tell of a value of their own kind, among what it must not be of. */
+        long others() {
+            return no & groups[ATOMS];
+        }
+
+        /** The schemas that tell of a value of which these and those tell, in the sense of these (0), or of those (1). */
+        long sensed(long these, long those, int sense) {
+            long all = 0;
+            for (int s = 0; s < book.count; s++) {
+                all |= (these >> s & 1) == 1 ? senses[2 * s + sense] : 0;
+                all |= (those >> s & 1) == 1 ? senses[2 * s + 1 - sense] : 0;
+            }
+            return all;
+        }
+
+        /** Starts the ways in which a list or a record that is not empty, and is never of some, can be as is asked for. */
+        void open(long must, long mustNot, int ofKind, long never, int mostSplits) {
+            kind = ofKind;
+            splits = mostSplits;
+            isCut = false;
+            high = 0;
+            push(must, mustNot, never, 0);
+        }
+
+        /** Goes to the next way, told by schemas of its kind alone; it leaves out what those ahead cover. False if there is none. */
+        boolean next() {
+            for (int i = 0; i < MOST_WAYS && high > 0; i++) {
+                high--;
+                yes = stack[WIDTH * high];
+                no = stack[WIDTH * high + 1];
+                long never = stack[WIDTH * high + 2];
+                long always = stack[WIDTH * high + 3];
+                if (!ease(nevers[kind] | never, alwayses[kind] | always)) {
+                    continue;
+                }
+                // A union that it must be of, or a meet that it must not be of, while neither side is seen to be so.
+                long unions = undecided(yes & groups[UNIONS], yes | alwayses[kind]);
+                long open = unions != 0 ? unions : undecided(no & groups[MEETS], no | nevers[kind]);
+                if (open == 0) {
+                    return true;
+                }
+                if (splits <= 0 || high >= STACK) {
+                    isCut = true;
+                    return true;
+                }
+                splits--;
+                int s = Long.numberOfTrailingZeros(open);
+                long first = Cone.bit(book.firsts[s]);
+                long second = Cone.bit(book.seconds[s]);
+                if (unions != 0) {
+                    push(yes | second, no, never | first, always);
+                    push(yes | first, no, never, always);
+                } else {
+                    push(yes, no | second, never, always | first);
+                    push(yes, no | first, never, always);
+                }
+            }
+            return false;
+        }
+
+        private void push(long must, long mustNot, long never, long always) {
+            stack[WIDTH * high] = must;
+            stack[WIDTH * high + 1] = mustNot;
+            stack[WIDTH * high + 2] = never;
+            stack[WIDTH * high + 3] = always;
+            high++;
+        }
+
+        /** The choices of which neither side is decided. */
+        private long undecided(long choices, long decided) {
+            long open = choices;
+            long rest = choices;
+            for (int i = 0; i < MOST_SCHEMAS && rest != 0; i++) {
+                int s = Long.numberOfTrailingZeros(rest);
+                rest &= rest - 1;
+                open &= ~((decided >> book.firsts[s] & 1 | decided >> book.seconds[s] & 1) << s);
+            }
+            return open;
+        }
+
+        /** Leaves only what all else follows from for a list or a record that is not empty. */
+        void trim(int kind) {
+            long unions = undecided(yes & groups[UNIONS], yes | alwayses[kind]);
+            long meets = undecided(no & groups[MEETS], no | nevers[kind]);
+            yes = (those() & ~alwayses[kind]) | unions;
+            no = (others() & ~nevers[kind]) | (no & (LIST | RECORD)) | meets;
+        }
+    }
+
+    /** Rows of bits, each once, in the order of the sizes with which they came. */
+    private static final class Table {
+        private static final int LEAST_ROOM = 32;
+        /** The room that each table may have, and the room that some few may have. */
+        private static final int SURE_ROOM = 1 << 16;
+        private static final int MOST_ROOM = 1 << 18;
+        private static final int GROWTH = 16;
+        private static final int LOOKS = 64;
+        private static final long SPREAD = 0x9E3779B97F4A7C15L;
+
+        long[] keys = new long[LEAST_ROOM];
+        private int[] slots = new int[2 * LEAST_ROOM];
+        /** Where the rows of each size start, and the greatest size that has some. */
+        private final int[] starts = new int[MOST_SIZE + 2];
+        private int top;
+        /** How many more tables may have much room. */
+        private final int[] spare;
+        /** The bits that it helps to have, and those that it helps not to have. */
+        private long more;
+        private long fewer;
+        /** How many rows there may be, and how many of one size, which start here. */
+        private int most;
+        private int quota;
+        private int opened;
+        /** Whether rows that were not joined make room for better ones; then more slots are taken than there are rows. */
+        private boolean replaces;
+        private int taken;
+        /** How many rows of two others were joined, each with each. */
+        private int oneDone;
+        private int otherDone;
+        int count;
+        /** How many of the rows were passed on. */
+        int fed;
+        /** Whether a row found no room, or there was no time for all. */
+        boolean spilled;
+        /** Whether a row was left out, for there were enough of its size. */
+        boolean isThin;
+
+        Table(int[] spare) {
+            this.spare = spare;
+        }
+
+        /** Empties the table for so many rows, and so many of one size, of bits of which some help and some harm. */
+        void start(long rising, long falling, int rows, int rowsOfSize, boolean isReplacing) {
+            if (taken == count) {
+                for (int i = count - 1; i >= 0; i--) {
+                    slots[slotOf(keys[i])] = 0;
+                }
+            } else {
+                Arrays.fill(slots, 0);
+            }
+            count = 0;
+            taken = 0;
+            opened = 0;
+            fed = 0;
+            top = NONE;
+            oneDone = 0;
+            otherDone = 0;
+            more = rising;
+            fewer = falling;
+            most = Math.min(rows, MOST_ROOM);
+            quota = rowsOfSize;
+            replaces = isReplacing;
+            spilled = false;
+            isThin = false;
+            starts[0] = 0;
+        }
+
+        /** All rows from now on are of a greater size. */
+        void close(int size) {
+            top = count > starts[size] ? size : top;
+            starts[size + 1] = count;
+            opened = count;
+        }
+
+        /** Puts a row in, if no other one serves as well; returns whether it did. */
+        boolean insert(long key) {
+            int slot = slotOf(key);
+            if (slots[slot] > 0 || isOutdone(key)) {
+                return false;
+            }
+            if (count - opened >= quota) {
+                isThin = true;
+                return false;
+            }
+            if (count >= keys.length && count < most) {
+                grow();
+                slot = slotOf(key);
+            }
+            if (count >= most || count >= keys.length) {
+                spilled = true;
+                return false;
+            }
+            if (replaces && replacesOne(key, slot)) {
+                return true;
+            }
+            keys[count] = key;
+            count++;
+            taken++;
+            slots[slot] = count;
+            return true;
+        }
+
+        /** Puts a row in the place of one of the last ones that it outdoes, if there is one. */
+        private boolean replacesOne(long key, int slot) {
+            if (more == fewer || taken >= slots.length / 4 * 3) {
+                return false;
+            }
+            for (int i = count - 1; i >= opened && i >= count - LOOKS; i--) {
+                if (((keys[i] & ~key & more) | (key & ~keys[i] & fewer)) == 0) {
+                    keys[i] = key;
+                    taken++;
+                    slots[slot] = i + 1;
+                    return true;
+                }
+            }
+            return false;
+        }
+
+        /** Looks at a few rows only, the first and the last ones: a row that others outdo costs time and nothing else. */
+        private boolean isOutdone(long key) {
+            if (more == fewer) {
+                return false;
+            }
+            int looks = Math.min(count, LOOKS);
+            int newest = Math.max(looks, count - LOOKS);
+            for (int i = 0; i < looks; i++) {
+                if (((key & ~keys[i] & more) | (keys[i] & ~key & fewer)) == 0) {
+                    return true;
+                }
+            }
+            for (int i = newest; i < count; i++) {
+                if (((key & ~keys[i] & more) | (keys[i] & ~key & fewer)) == 0) {
+                    return true;
+                }
+            }
+            return false;
+        }
+
+        /** The slot that a key has or would get; there are always free ones. */
+        private int slotOf(long key) {
+            int mask = slots.length - 1;
+            int slot = (int) (key * SPREAD >>> 32) & mask;
+            for (int i = 0; i < slots.length && slots[slot] > 0 && keys[slots[slot] - 1] != key; i++) {
+                slot = (slot + 1) & mask;
+            }
+            return slot;
+        }
+
+        /** Grows by much, for the arrays that are left behind count as well; not at all if too many others did. */
+        private void grow() {
+            int room = keys.length < SURE_ROOM ? Math.min(GROWTH * keys.length, SURE_ROOM) : MOST_ROOM;
+            if (room > SURE_ROOM) {
+                if (keys.length >= MOST_ROOM || spare[0] <= 0) {
+                    return;
+                }
+                spare[0]--;
+            }
+            keys = Arrays.copyOf(keys, room);
+            slots = new int[2 * room];
+            int mask = slots.length - 1;
+            for (int i = 0; i < count; i++) {
+                int slot = (int) (keys[i] * SPREAD >>> 32) & mask;
+                for (int k = 0; k < slots.length && slots[slot] > 0; k++) {
+                    slot = (slot + 1) & mask;
+                }
+                slots[slot] = i + 1;
+            }
+            taken = count;
+        }
+
+        /** Puts in what rows of two tables have together whose sizes make this sum; returns how many were tried. */
+        int join(Table one, Table other, int sum, long mask, int most) {
+            int price = 1;
+            int last = Math.min(sum, one.top);
+            for (int size = Math.max(0, sum - other.top); size <= last && !spilled; size++) {
+                int from = other.starts[sum - size];
+                int to = other.starts[sum - size + 1];
+                price++;
+                for (int i = one.starts[size]; i < one.starts[size + 1] && from < to && !spilled; i++) {
+                    price += to - from;
+                    spilled |= price > most;
+                    for (int k = from; k < to; k++) {
+                        insert(one.keys[i] & other.keys[k] & mask);
+                    }
+                }
+            }
+            close(sum);
+            return price;
+        }
+
+        /** Puts in what rows of two tables have together that were not joined so; returns how many were tried. */
+        int joinRest(Table one, Table other, long mask, int most) {
+            int price = 1;
+            for (int i = other.count > otherDone ? 0 : oneDone; i < one.count && !spilled; i++) {
+                int from = i < oneDone ? otherDone : 0;
+                price += 1 + other.count - from;
+                spilled |= price > most;
+                for (int k = from; k < other.count; k++) {
+                    insert(one.keys[i] & other.keys[k] & mask);
+                }
+            }
+            oneDone = one.count;
+            otherDone = other.count;
+            opened = count;
+            return price;
+        }
+    }
+
+    /**
+     * What each part of an answer must be of and must not be of, by the place where it stands: at a label,
+     * or in a list. It is spread from the question down. Of what can be asked at a place all is kept, or of
+     * too much two things become what both have in common, so that no part of the smallest answer is left out.
+     * Where nothing can be wanted, nothing is: without it the answer would be smaller.
+     */
+    private static final class Demands {
+        static final int MOST_SPREADS = 1000;
+        /** How many things are asked at a place, and where the question itself stands. */
+        private static final int MOST = 8;
+        private static final int ROOT = PLACES * MOST;
+        private static final int MOST_SPLITS = 64;
+        private static final int MOST_MORE = 4;
+
+        private final Schemas book;
+        private final Logic logic;
+        private final long[] wants = new long[ROOT + 1];
+        private final long[] misses = new long[ROOT + 1];
+        /** What else such a part may have to be of, and not to be of. */
+        private final long[] mays = new long[ROOT + 1];
+        private final long[] mayNots = new long[ROOT + 1];
+        private final int[] counts = new int[PLACES];
+        private boolean isEmptyOut;
+        private long want;
+        private long miss;
+        private long may;
+        private long mayNot;
+        /** The things asked that were not spread to the parts. */
+        long fresh;
+        /** The places, as bits, where each value of size 1 can stand. */
+        int singles;
+        /** The schemas of which it can help to be, and those of which it can help not to be. */
+        long helpful;
+        long harmful;
+
+        Demands(Schemas book, Logic logic) {
+            this.book = book;
+            this.logic = logic;
+        }
+
+        /** Starts with a value, which perhaps is not to be of size 1, that must be of all these and of none of those. */
+        void start(long must, long mustNot, boolean noSingle) {
+            Arrays.fill(counts, 0);
+            isEmptyOut = noSingle;
+            singles = 0;
+            wants[ROOT] = must;
+            misses[ROOT] = mustNot;
+            mays[ROOT] = logic.sensed(must, mustNot, 0);
+            mayNots[ROOT] = logic.sensed(must, mustNot, 1);
+            helpful = mays[ROOT];
+            harmful = mayNots[ROOT];
+            fresh = 1L << ROOT;
+        }
+
+        /** Spreads one thing that is asked: what all ways in which it can be met ask of a part is asked of this part. */
+        void spread() {
+            int at = Long.numberOfTrailingZeros(fresh);
+            fresh &= fresh - 1;
+            for (int place = 0; place < PLACES && at <= ROOT; place++) {
+                long told = (mays[at] & logic.needing[place]) | (mayNots[at] & logic.minding[place]);
+                // A value that must not be empty can need a part for which nothing else asks.
+                told |= at == ROOT && isEmptyOut ? (mays[at] | mayNots[at]) & logic.telling[place] : 0;
+                if (told == 0) {
+                    continue;
+                }
+                want = -1L;
+                miss = -1L;
+                int kind = place == IN_LIST ? Logic.LISTS : Logic.RECORDS;
+                logic.open(wants[at], misses[at], kind, logic.shut[place], MOST_SPLITS);
+                for (int way = 0; way <= MOST_SPLITS && logic.next(); way++) {
+                    leaveCommon(place);
+                }
+                want &= ~book.always;
+                miss &= ~book.never;
+                if (canBe(want, miss)) {
+                    may = itemsOf(mays[at], place);
+                    mayNot = itemsOf(mayNots[at], place);
+                    askAt(place);
+                }
             }
         }
 
-        private void addSingle(long own) {
-            singles.lower(cone.joinedUp(own), 1);
+        /** Ends the spreading; if it did not come to its end, each value can stand everywhere. */
+        void end() {
+            for (int place = 0; place < PLACES && fresh != 0; place++) {
+                counts[place] = 1;
+                wants[place * MOST] = 0;
+                misses[place * MOST] = 0;
+                helpful = -1L;
+                harmful = -1L;
+            }
+            // A value counts as being of none of what isn't looked at, which would be wrong for what it must not be of.
+            long before = 0;
+            for (int pass = 0; pass < MOST_SCHEMAS && harmful != before; pass++) {
+                before = harmful;
+                long items = 0;
+                for (int s = 0; s < book.count; s++) {
+                    items |= (before >> s & 1) == 1 ? book.nested(s) : 0;
+                }
+                helpful |= logic.sensed(0, items, 0);
+                harmful |= logic.sensed(0, items, 1);
+            }
+        }
+
+        /** Whether a value of these schemas can stand at a place in an answer. */
+        boolean serves(int place, long bits) {
+            for (int i = place * MOST; i < place * MOST + counts[place]; i++) {
+                if (((wants[i] & ~bits) | (misses[i] & bits)) == 0) {
+                    return true;
+                }
+            }
+            return false;
+        }
+
+        private boolean canBe(long wanted, long missed) {
+            return ((wanted & (missed | book.never)) | (missed & book.always)) == 0;
+        }
+
+        /** Leaves of what is wanted and missed at a place what this way asks for as well, if it can be. */
+        private void leaveCommon(int place) {
+            long wanted = 0;
+            long missed = 0;
+            long rest = logic.those();
+            for (int n = 0; n < MOST_SCHEMAS && rest != 0; n++) {
+                int item = book.below(Long.numberOfTrailingZeros(rest), place);
+                rest &= rest - 1;
+                wanted |= item < 0 ? 0 : logic.follows[4 * item];
+                missed |= item < 0 ? 0 : logic.follows[4 * item + 1];
+            }
+            rest = place == IN_LIST ? 0 : logic.others();
+            for (int n = 0; n < MOST_SCHEMAS && rest != 0; n++) {
+                int s = Long.numberOfTrailingZeros(rest);
+                rest &= rest - 1;
+                // Nothing else can keep the value from being of it.
+                if (book.tells(s) == 1 << place && book.barred(s) == 0) {
+                    int item = book.below(s, place);
+                    wanted |= logic.follows[4 * item + 2];
+                    missed |= logic.follows[4 * item + 3];
+                }
+            }
+            if (canBe(wanted, missed)) {
+                want &= wanted | book.always;
+                miss &= missed | book.never;
+            }
+        }
+
+        /** The schemas of what is at a place, of all these. */
+        private long itemsOf(long schemas, int place) {
+            long items = 0;
+            for (int s = 0; s < book.count; s++) {
+                boolean isSuch = book.kinds[s] == (place == IN_LIST ? 'l' : 'o') && (schemas >> s & 1) == 1;
+                items |= isSuch ? Cone.bit(book.below(s, place)) : 0;
+            }
+            return items;
         }
 
         /**
-         * The smallest size found of a value of a schema and not of another one, or the bound, if none is
-         * smaller. First it is asked whether there is one at all, unless the bound tells so, and then for
-         * one below a size that doubles.
+         * Asks at a place for what is wanted and missed there. Where a value of size 1 would do for that, and
+         * for all that it may not have to be, a greater value must be of something else, too.
          */
-        int smallest(int schema, int other, int bound, int mostAsked) {
-            int found = bound;
-            isSure = false;
+        private void askAt(int place) {
+            singles |= 1 << place;
+            helpful |= logic.sensed(may, mayNot, 0);
+            harmful |= logic.sensed(may, mayNot, 1);
+            long more = may & ~want & ~book.always;
+            if (Long.bitCount(more) > MOST_MORE || !logic.hasSingle(want, miss | mayNot)) {
+                ask(place, want, miss);
+                return;
+            }
+            for (int n = 0; n < MOST_MORE && more != 0; n++) {
+                int s = Long.numberOfTrailingZeros(more);
+                more &= more - 1;
+                long wanted = want | (logic.follows[4 * s] & ~book.always);
+                long missed = miss | (logic.follows[4 * s + 1] & ~book.never);
+                if (canBe(wanted, missed)) {
+                    ask(place, wanted, missed);
+                }
+            }
+        }
+
+        /** Adds what is asked at a place, if that is not asked already. */
+        private void ask(int place, long wanted, long missed) {
+            long yes = logic.sensed(may, mayNot, 0);
+            long no = logic.sensed(may, mayNot, 1);
+            int from = place * MOST;
+            int into = from + counts[place];
+            for (int i = from; i < into; i++) {
+                if (((wants[i] & ~wanted) | (misses[i] & ~missed)) == 0) {
+                    fresh |= ((yes & ~mays[i]) | (no & ~mayNots[i])) != 0 ? 1L << i : 0;
+                    mays[i] |= yes;
+                    mayNots[i] |= no;
+                    return;
+                }
+            }
+            wants[into] = wanted;
+            misses[into] = missed;
+            mays[into] = yes;
+            mayNots[into] = no;
+            fresh |= 1L << into;
+            counts[place]++;
+            if (counts[place] == MOST) {
+                mergeTwo(from, into);
+                counts[place]--;
+            }
+        }
+
+        /** Of two of these that have the most in common leaves what both ask for. */
+        private void mergeTwo(int from, int last) {
+            int one = from;
+            int two = last;
+            int most = NONE;
+            for (int i = from; i < last; i++) {
+                for (int k = i + 1; k <= last; k++) {
+                    int common = Long.bitCount(wants[i] & wants[k]) + Long.bitCount(misses[i] & misses[k]);
+                    if (common > most) {
+                        most = common;
+                        one = i;
+                        two = k;
+                    }
+                }
+            }
+            wants[one] &= wants[two];
+            misses[one] &= misses[two];
+            mays[one] |= mays[two];
+            mayNots[one] |= mayNots[two];
+            wants[two] = wants[last];
+            misses[two] = misses[last];
+            mays[two] = mays[last];
+            mayNots[two] = mayNots[last];
+            fresh = (fresh & ~(1L << two)) | 1L << one | (fresh >> last & 1) << two;
+            fresh &= ~(1L << last);
+        }
+    }
+
+    /**
+     * Finds the smallest answer up from the leaves. Values that the schemas can't tell apart count as one:
+     * all kinds of values that there are get built by rising sizes, until one answers or nothing new comes.
+     * What can't be a part of an answer (see Demands) is left out.
+     */
+    private static final class Climb {
+        private static final int MOST_ROUNDS = 1000000;
+        private static final int ENDLESS = Needs.ENDLESS;
+        private static final int SPARE = 3;
+        private static final int ONES = 0;
+        private static final int TWOS = 1;
+        private static final int THREES = 2;
+        private static final int FOURS = 3;
+        private static final int RECORDS = 4;
+
+        private final Logic logic;
+        private final Cone cone;
+        private final Demands demands;
+        private final int[] spare = {SPARE};
+        private final Table[] fields = {new Table(spare), new Table(spare), new Table(spare), new Table(spare)};
+        private final Table left = new Table(spare);
+        private final Table right = new Table(spare);
+        /** Parts of lists, lists of two, three and four parts, and records. */
+        private final Table[] made = {new Table(spare), new Table(spare), new Table(spare), new Table(spare), new Table(spare)};
+        private long must;
+        private long mustNot;
+        private int least;
+        private int best;
+        private int largest;
+        private int rows;
+        private int rowsOfSize;
+        private boolean isAnySize;
+        /** How many pairs of rows may still be tried. */
+        int pairs;
+        /** No answer is smaller than this. */
+        int floor;
+        /** Whether the answer is the smallest size, or that there is none. */
+        boolean isSure;
+
+        Climb(Schemas book, Logic logic) {
+            this.logic = logic;
+            cone = new Cone(book);
+            demands = new Demands(book, logic);
+        }
+
+        /** Tells how many rows a table may have, and how many pairs of rows may be tried. */
+        void allow(int mostRows, int mostPairs) {
+            rows = mostRows;
+            pairs = mostPairs;
+            rowsOfSize = mostRows;
+            isAnySize = false;
+        }
+
+        /** Tells how many rows of one size a table may have; what is more is left out. */
+        void thinOut(int mostOfSize) {
+            rowsOfSize = mostOfSize;
+        }
+
+        /** Tells that it is only asked whether there is an answer: then a greater value can make smaller ones superfluous. */
+        void leaveSizes() {
+            isAnySize = true;
+        }
+
+        /** The smallest size from the least one on, and below another one, of a value of all these and of none of those. */
+        int find(long ofAll, long ofNone, int leastSize, int below) {
+            must = ofAll;
+            mustNot = ofNone;
+            least = leastSize;
+            best = ENDLESS;
+            largest = 0;
+            floor = 1;
+            demands.start(must, mustNot, least > 1);
+            for (int i = 0; i < Demands.MOST_SPREADS && demands.fresh != 0; i++) {
+                demands.spread();
+            }
+            demands.end();
+            cone.prepare(demands.helpful, demands.harmful);
+            start();
+            addLeaves();
+            boolean goesOn = closeAll(1);
+            int size = 2;
+            for (; size < MOST_SIZE && size < below && size <= MOST_PARTS * largest + 1 && goesOn && !isAnySize; size++) {
+                join(size - 1);
+                feed(size);
+                goesOn = closeAll(size);
+            }
+            boolean isEnd = goesOn && size > MOST_PARTS * largest + 1;
+            boolean changed = goesOn && !isEnd && size < below;
+            for (int round = 0; round < MOST_ROUNDS && changed && goesOn; round++) {
+                joinRest();
+                changed = feed(MOST_SIZE);
+                goesOn = closeAll(MOST_SIZE);
+                isEnd = goesOn && !changed;
+            }
+            boolean isWhole = !isThin();
+            isSure = isWhole && (isEnd || best < ENDLESS);
+            floor = isWhole && isEnd ? ENDLESS : floor;
+            return best;
+        }
+
+        private void start() {
+            for (int label = 0; label < LABELS; label++) {
+                fields[label].start(cone.rising, cone.falling, rows, rowsOfSize, isAnySize);
+                fields[label].insert(cone.withoutLabel(label));
+                fields[label].close(0);
+            }
+            left.start(cone.rising, cone.falling, rows, rowsOfSize, isAnySize);
+            right.start(cone.rising, cone.falling, rows, rowsOfSize, isAnySize);
+            pairs -= left.join(fields[0], fields[1], 0, -1L, pairs);
+            pairs -= right.join(fields[2], fields[3], 0, -1L, pairs);
+            for (Table table : made) {
+                table.start(cone.rising, cone.falling, rows, rowsOfSize, isAnySize);
+                table.close(0);
+            }
+        }
+
+        private void addLeaves() {
+            add(cone.ofLeaf('z', 0), 1, 0);
+            add(cone.ofLeaf('b', 0), 1, 0);
+            for (int symbol = 0; symbol <= 9; symbol++) {
+                add(cone.ofLeaf('s', symbol), 1, 0);
+            }
+            for (int i = 0; i < cone.breaks(); i++) {
+                add(cone.ofLeaf('n', cone.breakAt(i)), 1, 0);
+            }
+            add(cone.taking(0), 1, Logic.LIST);
+            add(cone.withoutLabel(0) & cone.withoutLabel(1) & cone.withoutLabel(2) & cone.withoutLabel(3), 1, Logic.RECORD);
+        }
+
+        /** Takes in a value by the schemas of its own kind; returns whether it is a new part for others. */
+        private boolean add(long own, int size, long kind) {
+            long bits = cone.joinedUp(own);
+            if (size >= least && (must & ~bits) == 0 && (mustNot & (bits | kind)) == 0) {
+                best = Math.min(best, size);
+                return false;
+            }
+            int places = size < least ? -1 : size == 1 ? demands.singles : 0;
+            boolean isNew = ((places >> IN_LIST & 1) == 1 || demands.serves(IN_LIST, bits)) && made[ONES].insert(cone.asPart(bits));
+            for (int label = 0; label < LABELS; label++) {
+                boolean serves = (places >> label & 1) == 1 || demands.serves(label, bits);
+                isNew |= serves && fields[label].insert(cone.atLabel(bits, label));
+            }
+            largest = isNew ? size : largest;
+            return isNew;
+        }
+
+        /** Joins parts whose sizes make this sum. */
+        private void join(int sum) {
+            Table parts = made[ONES];
+            Table twos = made[TWOS];
+            pairs -= twos.join(parts, parts, sum, cone.reaching(2), pairs);
+            // Lists of a length that no schema takes are all alike, and the first one is the smallest one.
+            if (cone.taking(3) != 0 || made[THREES].count == 0) {
+                pairs -= made[THREES].join(twos, parts, sum, cone.taking(3), pairs);
+            }
+            if (cone.taking(4) != 0 || made[FOURS].count == 0) {
+                pairs -= made[FOURS].join(twos, twos, sum, cone.taking(4), pairs);
+            }
+            pairs -= left.join(fields[0], fields[1], sum, -1L, pairs);
+            pairs -= right.join(fields[2], fields[3], sum, -1L, pairs);
+            pairs -= made[RECORDS].join(left, right, sum, -1L, pairs);
+        }
+
+        /** Joins all parts that were not joined, whose sizes all count the same. */
+        private void joinRest() {
+            Table parts = made[ONES];
+            Table twos = made[TWOS];
+            pairs -= twos.joinRest(parts, parts, cone.reaching(2), pairs);
+            if (cone.taking(3) != 0 || made[THREES].count == 0) {
+                pairs -= made[THREES].joinRest(twos, parts, cone.taking(3), pairs);
+            }
+            if (cone.taking(4) != 0 || made[FOURS].count == 0) {
+                pairs -= made[FOURS].joinRest(twos, twos, cone.taking(4), pairs);
+            }
+            pairs -= left.joinRest(fields[0], fields[1], -1L, pairs);
+            pairs -= right.joinRest(fields[2], fields[3], -1L, pairs);
+            pairs -= made[RECORDS].joinRest(left, right, -1L, pairs);
+        }
+
+        /** Takes in the lists and records that were joined, as values of this size; returns whether there are new parts. */
+        private boolean feed(int size) {
+            boolean changed = false;
+            for (int t = 0; t < made.length; t++) {
+                Table table = made[t];
+                long mask = t == ONES ? cone.taking(1) : t == TWOS ? cone.taking(2) : -1L;
+                long kind = t == RECORDS ? Logic.RECORD : Logic.LIST;
+                int end = table.count;
+                for (int i = table.fed; i < end && best == ENDLESS; i++) {
+                    changed |= add(table.keys[i] & mask, size, kind);
+                }
+                table.fed = end;
+            }
+            return changed;
+        }
+
+        /** Ends a size; returns whether there is still something to look for, and room and time for it. */
+        private boolean closeAll(int size) {
+            boolean goesOn = best == ENDLESS && pairs > 0 && !left.spilled && !right.spilled;
+            for (Table table : fields) {
+                table.close(size);
+                goesOn &= !table.spilled;
+            }
+            for (Table table : made) {
+                goesOn &= !table.spilled;
+            }
+            made[ONES].close(size);
+            floor = goesOn && !isThin() ? Math.min(size + 1, MOST_SIZE) : floor;
+            return goesOn;
+        }
+
+        /** Whether something was left out. */
+        private boolean isThin() {
+            boolean isThin = left.isThin || right.isThin;
+            for (Table table : fields) {
+                isThin |= table.isThin;
+            }
+            for (Table table : made) {
+                isThin |= table.isThin;
+            }
+            return isThin;
+        }
+    }
+
+    /**
+     * What values must be of and must not be of, each pair once, with the smallest size found for it and
+     * the size below which it was looked into. On the trail are those to look into, the newest first;
+     * later come once more those that hang on others that were not settled, as long as something changes.
+     */
+    private static final class Needs {
+        static final int ENDLESS = 1 << 20;
+        /** No list or record that is not empty is smaller. */
+        static final int LEAST_DEEP = 2;
+        private static final int LEAST_ROOM = 64;
+        private static final int MOST_ROOM = 1 << 17;
+        private static final int GROWTH = 8;
+        private static final int IDLE = 0;
+        private static final int LISTED = 1;
+        private static final int BARREN = 2;
+        private static final int COVERED = -2;
+        private static final int MOST_COVERS = 128;
+
+        long[] yes = new long[LEAST_ROOM];
+        long[] no = new long[LEAST_ROOM];
+        private int[] sizes = new int[LEAST_ROOM];
+        private int[] reaches = new int[LEAST_ROOM];
+        private int[] marks = new int[LEAST_ROOM];
+        private int[] slots = new int[2 * LEAST_ROOM];
+        private int[] trail = new int[LEAST_ROOM];
+        private int[] later = new int[LEAST_ROOM];
+        private int[] tries = new int[LEAST_ROOM];
+        /** Some that no value meets: what asks for more than one of them is not met, either. */
+        private final int[] covers = new int[MOST_COVERS];
+        private int coverCount;
+        private int rowOfLooks;
+        private int count;
+        private int trailCount;
+        private int laterCount;
+        private boolean changed;
+        /** The size from which on nothing is asked for. */
+        private int most;
+        /** Whether what is looked into hangs on something that is not settled. */
+        private boolean isOpen;
+        /** How many more may come in until the next look. */
+        int fresh;
+        /** The one that is looked into, or -1. */
+        int current = NONE;
+
+        /** Forgets all that is known. */
+        void clear() {
+            Arrays.fill(slots, 0);
+            count = 0;
+            coverCount = 0;
+        }
+
+        /** Starts a row of looks with an empty trail, for sizes below this one, with room for what is asked for. */
+        void start(int reach) {
+            drop();
+            if (count > MOST_ROOM / 2) {
+                clear();
+            }
+            rowOfLooks++;
+            most = reach;
+            fresh = hasRoom(1) ? 1 : 0;
+        }
+
+        /** Whether any size does, for it is only asked whether there is one. */
+        boolean isProof() {
+            return most == ENDLESS;
+        }
+
+        /** Takes off the lists what was not looked into to the end. */
+        void drop() {
+            for (int i = 0; i < trailCount; i++) {
+                forget(trail[i]);
+            }
+            for (int i = 0; i < laterCount; i++) {
+                forget(later[i]);
+            }
+            trailCount = 0;
+            laterCount = 0;
+            changed = false;
+            current = NONE;
+            fresh = 0;
+        }
+
+        private void forget(int place) {
+            marks[place] = IDLE;
+            reaches[place] = 0;
+        }
+
+        boolean isBusy() {
+            return trailCount + laterCount > 0;
+        }
+
+        private boolean hasRoom(int more) {
+            if (count + more <= yes.length) {
+                return true;
+            }
+            int room = Math.min(GROWTH * yes.length, MOST_ROOM);
+            if (count + more > room) {
+                return false;
+            }
+            yes = Arrays.copyOf(yes, room);
+            no = Arrays.copyOf(no, room);
+            sizes = Arrays.copyOf(sizes, room);
+            reaches = Arrays.copyOf(reaches, room);
+            marks = Arrays.copyOf(marks, room);
+            trail = Arrays.copyOf(trail, room);
+            later = Arrays.copyOf(later, room);
+            tries = Arrays.copyOf(tries, room);
+            slots = new int[2 * room];
+            for (int i = 0; i < count; i++) {
+                slots[slotOf(yes[i], no[i])] = i + 1;
+            }
+            return true;
+        }
+
+        private int slotOf(long must, long mustNot) {
+            long mixed = (must * 0x9E3779B97F4A7C15L ^ mustNot) * 0xC2B2AE3D27D4EB4FL;
+            int mask = slots.length - 1;
+            int slot = (int) (mixed >>> 32) & mask;
+            for (int i = 0; i < slots.length && slots[slot] > 0; i++) {
+                int there = slots[slot] - 1;
+                if (yes[there] == must && no[there] == mustNot) {
+                    return slot;
+                }
+                slot = (slot + 1) & mask;
+            }
+            return slot;
+        }
+
+        /**
+         * The place of a pair, which may be new, or -1 if no more may come in now, or -2 if no value meets
+         * it, as is seen from all that follows from it.
+         */
+        int placeOf(long must, long mustNot, long followsYes, long followsNo) {
+            int slot = slotOf(must, mustNot);
+            if (slots[slot] > 0) {
+                return slots[slot] - 1;
+            }
+            for (int i = 0; i < MOST_COVERS && i < coverCount; i++) {
+                int cover = covers[i];
+                if (((yes[cover] & ~followsYes) | (no[cover] & ~followsNo)) == 0) {
+                    return COVERED;
+                }
+            }
+            if (fresh <= 0 || count >= yes.length) {
+                return NONE;
+            }
+            int made = count;
+            yes[made] = must;
+            no[made] = mustNot;
+            sizes[made] = ENDLESS;
+            reaches[made] = 0;
+            marks[made] = IDLE;
+            tries[made] = 0;
+            count++;
+            slots[slot] = count;
+            return made;
+        }
+
+        /** The smallest size known at a place; if there may be a smaller one below the limit, it comes on the trail. */
+        int sizeAt(int place, int limit) {
+            if (place == COVERED) {
+                return ENDLESS;
+            }
+            if (place < 0) {
+                isOpen = true;
+                return ENDLESS;
+            }
+            // A value is greater than its parts, so that asking for itself makes none that is smaller.
+            if (place == current || marks[place] == BARREN) {
+                return ENDLESS;
+            }
+            int known = sizes[place];
+            if (isEnough(known)) {
+                return known;
+            }
+            if (marks[place] == LISTED) {
+                isOpen = true;
+                changed |= limit > reaches[place];
+                reaches[place] = limit > reaches[place] ? raised(place, limit) : reaches[place];
+                return known;
+            }
+            if (!isProof() && (known <= reaches[place] || limit <= reaches[place])) {
+                return known < limit ? known : ENDLESS;
+            }
+            isOpen = true;
+            if (fresh > 0) {
+                fresh--;
+                marks[place] = LISTED;
+                reaches[place] = raised(place, limit);
+                trail[trailCount] = place;
+                trailCount++;
+            }
+            return known;
+        }
+
+        /** What was looked into ahead, and not far enough, is looked into twice as far. */
+        private int raised(int place, int limit) {
+            return Math.min(most, Math.max(limit, 2 * reaches[place]));
+        }
+
+        /** Goes to the next one to look into, with room for so many new ones; false if there is none, or no room. */
+        boolean goesOn(int more) {
+            if (trailCount == 0 && isProof() && current >= 0 && sizes[current] < ENDLESS) {
+                // The last one is the question itself, and there is one.
+                drop();
+            }
+            if (trailCount == 0) {
+                goBack();
+            }
+            boolean goes = trailCount > 0 && hasRoom(more);
+            current = goes ? trail[trailCount - 1] : NONE;
+            fresh = goes ? more : 0;
+            isOpen = false;
+            return goes;
+        }
+
+        /** Takes up again those that hang on others, or settles them, if nothing changed meanwhile. */
+        private void goBack() {
+            for (int i = laterCount - 1; i >= 0; i--) {
+                if (changed) {
+                    trail[trailCount] = later[i];
+                    trailCount++;
+                } else {
+                    settle(later[i]);
+                }
+            }
+            laterCount = 0;
+            changed = false;
+        }
+
+        private void settle(int place) {
+            boolean isBarren = most == ENDLESS && sizes[place] == ENDLESS;
+            marks[place] = isBarren ? BARREN : IDLE;
+            reaches[place] = most == ENDLESS ? 0 : reaches[place];
+            if (isBarren) {
+                covers[coverCount % MOST_COVERS] = place;
+                coverCount++;
+            }
+        }
+
+        /** Whether the current one was not tried otherwise in this row of looks; asking counts as trying. */
+        boolean isUntried() {
+            boolean untried = current >= 0 && tries[current] != rowOfLooks;
+            if (untried) {
+                tries[current] = rowOfLooks;
+            }
+            return untried;
+        }
+
+        /** The size below which a smaller one than is known of the current one is of interest. */
+        int reach() {
+            return current < 0 ? 0 : Math.min(sizes[current], reaches[current]);
+        }
+
+        void lower(int size) {
+            if (current >= 0 && size < reach()) {
+                sizes[current] = size;
+                changed = true;
+            }
+        }
+
+        /** Whether a size needs no look for a smaller one. */
+        boolean isEnough(int size) {
+            return size <= LEAST_DEEP || (most == ENDLESS && size < ENDLESS);
+        }
+
+        /**
+         * Puts the current one away, unless something came in that has to be looked into ahead of it. If
+         * its size is enough, what came in for it goes again.
+         */
+        void done(int size) {
+            boolean isEnough = isEnough(size);
+            for (int i = trailCount - 1; i >= 0 && isEnough && trail[i] != current; i--) {
+                forget(trail[i]);
+                trailCount--;
+            }
+            if (trailCount == 0 || trail[trailCount - 1] != current) {
+                return;
+            }
+            trailCount--;
+            if (isEnough || !isOpen) {
+                settle(current);
+            } else {
+                later[laterCount] = current;
+                laterCount++;
+            }
+        }
+    }
+
+    /**
+     * Finds the smallest value of one schema that is not of another one, by two ways in turns: up from the
+     * leaves (see Climb), and down from the question: what a value must and must not be of is split until
+     * lists and records alone are left, and these ask the same of their parts. Each way is sure of its
+     * answer if it came to its end. On the way down a value of size 1 is looked for first, so all else is
+     * about lists and records that are not empty, and what is asked of a part is tried up from the leaves, too.
+     */
+    private static final class Search {
+        private static final int TURNS = 3;
+        private static final int[] ROWS = {512, 8192, 1 << 18};
+        private static final int[] PAIRS = {200000, 5000000, 150000000};
+        private static final int[] ASKED = {100000, 1000000, 6000000};
+        /** How much of the time for all parts one of them may take. */
+        private static final int SHARE = 64;
+        private static final int ROWS_OF_SIZE = 200;
+        /** How much time the last turns may take in all, in pairs of rows, and how many of them one question is worth. */
+        private static final long PATIENCE = 20000000000L;
+        private static final int ASKING = 128;
+        private static final int FRESH = 32;
+        private static final int FRESH_PROOF = 8;
+        private static final int REACHES = 8;
+        private static final int LEAST_REACH = 4;
+        private static final int MOST_LOOKS = 100000000;
+        private static final int MOST_SPLITS = 1000000;
+        private static final int[] SHAPES = {1, 2, 4, 8, 3, 5, 6, 9, 10, 12, 7, 11, 13, 14, 15};
+        private static final int[] LENGTHS = {1, 3, 7, 15};
+        private static final int UNKNOWN = -1;
+        private static final int UNSURE = 1 << 16;
+
+        private final Schemas told;
+        private final Values pool;
+        private final Verdicts verdicts;
+        /** What is told, in its plain form. */
+        private final Schemas book = new Schemas();
+        private final Logic logic;
+        private final Climb climb;
+        private final Needs needs = new Needs();
+        /** For each part: of what it must be, of what not, and of what others see to that it is not. */
+        private final long[] wants = new long[MOST_PARTS];
+        private final long[] misses = new long[MOST_PARTS];
+        private final long[] barred = new long[MOST_PARTS];
+        private final int[] costs = new int[MOST_PARTS];
+        private final int[] twins = new int[MOST_PARTS];
+        private final int[] answers = new int[MOST_SCHEMAS * (MOST_SCHEMAS + 1)];
+        private int edition = UNKNOWN;
+        private long patience = PATIENCE;
+        /** No answer is smaller than this. */
+        private int lower;
+        private int best;
+        private int left;
+        /** Whether there is an answer, perhaps of a size that is not known. */
+        private boolean isThere;
+        private boolean isSure;
+
+        Search(Schemas told, Values pool, Verdicts verdicts) {
+            this.told = told;
+            this.pool = pool;
+            this.verdicts = verdicts;
+            logic = new Logic(book);
+            climb = new Climb(book, logic);
+        }
+
+        /** The size of the smallest value of a schema and not of another one (-1: of any); 0 if there is none. */
+        int smallest(int schema, int other) {
+            if (!told.has(schema) || schema == other) {
+                return 0;
+            }
+            refresh();
+            int first = book.stands[schema];
+            int second = other < 0 ? NONE : book.stands[other];
+            int place = first * (MOST_SCHEMAS + 1) + second + 1;
+            if (answers[place] == UNKNOWN) {
+                long must = Cone.bit(first);
+                long mustNot = Cone.bit(second);
+                int found = Needs.ENDLESS;
+                lower = 1;
+                isThere = false;
+                isSure = first == second;
+                for (int turn = 0; turn < TURNS && !isSure && (turn < TURNS - 1 || patience > 0); turn++) {
+                    found = turn == 1 ? Math.min(found, smallestMade(schema, other)) : found;
+                    found = up(must, mustNot, found, turn);
+                    if (!isSure) {
+                        found = down(must, mustNot, found, turn);
+                    }
+                }
+                found = found == Needs.ENDLESS && isThere ? lower : found;
+                answers[place] = (found == Needs.ENDLESS ? 0 : found) | (isSure ? 0 : UNSURE);
+            }
+            int answer = answers[place] & ~UNSURE;
+            if (answer == answers[place]) {
+                return answer;
+            }
+            int made = smallestMade(schema, other);
+            return answer == 0 && made == Needs.ENDLESS ? 0 : Math.min(answer == 0 ? made : answer, made);
+        }
+
+        /** Gets ready for the schemas as they are. */
+        private void refresh() {
+            if (edition == told.edition && book.count == told.count) {
+                return;
+            }
+            // A new schema changes nothing for the other ones.
+            if (edition != told.edition) {
+                Arrays.fill(answers, UNKNOWN);
+                needs.clear();
+            }
+            edition = told.edition;
+            book.becomePlain(told);
+            logic.prepare();
+        }
+
+        /** The size of the smallest one of the values that were made that answers. */
+        private int smallestMade(int schema, int other) {
+            int found = Needs.ENDLESS;
+            for (int v = 0; v < pool.count; v++) {
+                if (pool.sizes[v] < found && verdicts.belongs(v, schema) && !verdicts.belongs(v, other)) {
+                    found = Math.min(pool.sizes[v], MOST_SIZE);
+                }
+            }
+            return found;
+        }
+
+        /**
+         * The smallest size found on the way up, or the one known, if none is smaller. If there are too many
+         * kinds of values, some are left out, which may find an answer, though not the smallest one; and it is
+         * asked whether there is one at all.
+         */
+        private int up(long must, long mustNot, int known, int turn) {
+            climb.allow(ROWS[turn], PAIRS[turn]);
+            int found = Math.min(known, climb.find(must, mustNot, 1, known));
+            int pairs = PAIRS[turn] - climb.pairs;
+            lower = Math.max(lower, climb.floor);
+            isSure = climb.isSure || found <= lower;
+            if (!isSure && found == Needs.ENDLESS && turn > 0) {
+                climb.allow(ROWS[turn], PAIRS[turn]);
+                climb.thinOut(ROWS_OF_SIZE);
+                found = climb.find(must, mustNot, 1, found);
+                pairs += PAIRS[turn] - climb.pairs;
+            }
+            if (!isSure && found == Needs.ENDLESS && turn > 0) {
+                climb.allow(ROWS[turn], PAIRS[turn]);
+                climb.leaveSizes();
+                isThere |= climb.find(must, mustNot, 1, found) < Needs.ENDLESS;
+                isSure = climb.isSure && !isThere;
+                pairs += PAIRS[turn] - climb.pairs;
+            }
+            patience -= turn == TURNS - 1 ? pairs : 0;
+            return found;
+        }
+
+        /**
+         * The smallest size found on the way down, or the one known, if none is smaller. First it is asked
+         * whether there is one at all, unless one is known, and then for one below a size that doubles.
+         */
+        private int down(long must, long mustNot, int known, int turn) {
+            int found = known;
+            int pairs = 0;
             boolean goesOn = true;
-            for (int turn = bound < Needs.ENDLESS ? 1 : 0; turn <= REACHES && goesOn; turn++) {
-                int reach = turn == 0 ? Needs.ENDLESS : Math.min(LEAST_REACH << turn, found);
-                left = mostAsked;
-                needs.start(book.edition, reach);
-                cost(Cone.bit(schema), Cone.bit(other), reach);
-                for (int look = 0; look < MOST_LOOKS && needs.goesOn(turn == 0 ? FRESH_PROOF : FRESH); look++) {
+            for (int phase = known < Needs.ENDLESS || isThere ? 1 : 0; phase <= REACHES && goesOn; phase++) {
+                int reach = phase == 0 ? Needs.ENDLESS : Math.min(LEAST_REACH << phase, found);
+                left = phase <= 1 ? ASKED[turn] : left;
+                pairs = phase <= 1 ? PAIRS[turn] : pairs;
+                if (reach <= lower) {
+                    continue;
+                }
+                int asked = left;
+                needs.start(reach);
+                cost(must, mustNot, reach);
+                for (int look = 0; look < MOST_LOOKS && needs.goesOn(phase == 0 ? FRESH_PROOF : FRESH); look++) {
                     best = needs.reach();
-                    lookInto(LISTS);
-                    lookInto(RECORDS);
+                    boolean isClimbed = false;
+                    if (pairs > 0 && needs.isUntried()) {
+                        int share = Math.min(pairs, PAIRS[turn] / SHARE);
+                        climb.allow(ROWS[turn], share);
+                        int size = climb.find(needs.yes[needs.current], needs.no[needs.current], Needs.LEAST_DEEP, best);
+                        pairs -= share - climb.pairs;
+                        isClimbed = climb.isSure || climb.floor >= best;
+                        best = Math.min(best, size);
+                    }
+                    if (!isClimbed) {
+                        lookInto(Logic.LISTS);
+                        lookInto(Logic.RECORDS);
+                    }
                     needs.lower(best);
                     if (left <= 0) {
                         break;
@@ -2090,9 +3134,11 @@ public final class Formwarden {
                     needs.done(best);
                 }
                 boolean ended = !needs.isBusy();
-                found = Math.min(found, cost(Cone.bit(schema), Cone.bit(other), reach));
-                isSure = ended && (turn == 0 ? found == Needs.ENDLESS : found <= reach);
-                goesOn = !isSure && (turn == 0 || ended);
+                patience -= turn == TURNS - 1 ? (long) (asked - left) * ASKING : 0;
+                found = Math.min(found, cost(must, mustNot, reach));
+                lower = ended && phase > 0 ? Math.max(lower, Math.min(reach, Math.min(found, MOST_SIZE))) : lower;
+                isSure = found <= lower || (ended && (phase == 0 ? found == Needs.ENDLESS : found <= reach));
+                goesOn = !isSure && (phase == 0 || ended);
             }
             needs.drop();
             return found;
@@ -2100,27 +3146,12 @@ public final class Formwarden {
 
         /** Looks for smaller lists, or records, that meet what is asked for. */
         private void lookInto(int kind) {
-            push(0, needs.yes[needs.current], needs.no[needs.current], 0, 0);
-            int high = 1;
-            int[] shapes = kind == LISTS ? LENGTHS : PLACES;
-            for (int split = 0; split <= MOST_SPLITS && high > 0; split++) {
-                left = split == MOST_SPLITS || high > STACK ? 0 : left;
-                if (isHalted()) {
-                    return;
-                }
-                high--;
-                yes = stack[WIDTH * high];
-                no = stack[WIDTH * high + 1];
-                if (!ease(nevers[kind] | stack[WIDTH * high + 2], alwayses[kind] | stack[WIDTH * high + 3])) {
-                    continue;
-                }
-                if ((openUnions(kind) | openMeets(kind)) != 0) {
-                    split(kind, high);
-                    high += 2;
-                    continue;
-                }
-                long those = yes & groups[ATOMS];
-                long others = no & groups[ATOMS] & ~nevers[kind];
+            int[] shapes = kind == Logic.LISTS ? LENGTHS : SHAPES;
+            logic.open(needs.yes[needs.current], needs.no[needs.current], kind, 0, MOST_SPLITS);
+            for (int way = 0; way <= MOST_SPLITS && !isHalted() && logic.next(); way++) {
+                left = logic.isCut ? 0 : left;
+                long those = logic.those();
+                long others = logic.others() & ~logic.nevers[kind];
                 for (int i = 0; i < shapes.length && !isHalted(); i++) {
                     if (1 + Long.bitCount(shapes[i]) < best) {
                         assign(rivals(shapes[i], others), 0, opened(shapes[i], those, others));
@@ -2136,31 +3167,7 @@ public final class Formwarden {
 
         /** The size below which a part is of use, if all else has this size. */
         private int limit(int others) {
-            return needs.isProof ? Needs.ENDLESS : best - others;
-        }
-
-        /** Puts both ways to meet an open choice on the stack; the second way leaves out what the first one covers. */
-        private void split(int kind, int high) {
-            long barred = stack[WIDTH * high + 2];
-            long barredNot = stack[WIDTH * high + 3];
-            long unions = openUnions(kind);
-            int s = Long.numberOfTrailingZeros(unions != 0 ? unions : openMeets(kind));
-            long first = Cone.bit(book.firsts[s]);
-            long second = Cone.bit(book.seconds[s]);
-            if (unions != 0) {
-                push(high, yes | second, no, barred | first, barredNot);
-                push(high + 1, yes | first, no, barred, barredNot);
-            } else {
-                push(high, yes, no | second, barred, barredNot | first);
-                push(high + 1, yes, no | first, barred, barredNot);
-            }
-        }
-
-        private void push(int at, long must, long mustNot, long barred, long barredNot) {
-            stack[WIDTH * at] = must;
-            stack[WIDTH * at + 1] = mustNot;
-            stack[WIDTH * at + 2] = barred;
-            stack[WIDTH * at + 3] = barredNot;
+            return needs.isProof() ? Needs.ENDLESS : best - others;
         }
 
         /** Those that some part must keep a value with parts at these places from. */
@@ -2209,8 +3216,8 @@ public final class Formwarden {
         /** Adds to a part what it must be (0) or not be (2), and what follows. */
         private void add(int part, int item, int not) {
             if (item >= 0) {
-                wants[part] |= follows[4 * item + not];
-                misses[part] |= follows[4 * item + not + 1];
+                wants[part] |= logic.follows[4 * item + not];
+                misses[part] |= logic.follows[4 * item + not + 1];
             }
         }
 
@@ -2311,287 +3318,42 @@ public final class Formwarden {
         /** The smallest size known of a value of all these and of none of those, as far as it is below the limit. */
         private int cost(long must, long mustNot, int limit) {
             left--;
-            for (int i = 0; i < singles.count; i++) {
-                if (((must & ~singles.keys[i]) | (mustNot & singles.keys[i])) == 0) {
-                    return 1;
-                }
+            if (logic.hasSingle(must, mustNot)) {
+                return 1;
             }
-            yes = must;
-            no = mustNot;
-            if (limit <= Needs.LEAST_DEEP || !ease(nevers[EITHER], alwayses[EITHER])) {
+            logic.yes = must;
+            logic.no = mustNot;
+            if (limit <= Needs.LEAST_DEEP || !logic.ease(logic.nevers[Logic.EITHER], logic.alwayses[Logic.EITHER])) {
                 return Needs.ENDLESS;
             }
-            boolean noList = ((yes & nevers[LISTS]) | (no & alwayses[LISTS])) != 0;
-            boolean noRecord = ((yes & nevers[RECORDS]) | (no & alwayses[RECORDS])) != 0;
-            int kind = noList ? RECORDS : noRecord ? LISTS : EITHER;
-            no |= (noList ? LIST : 0) | (noRecord ? RECORD : 0);
-            if (!ease(nevers[kind], alwayses[kind])) {
+            boolean noList = ((logic.yes & logic.nevers[Logic.LISTS]) | (logic.no & logic.alwayses[Logic.LISTS])) != 0;
+            boolean noRecord = ((logic.yes & logic.nevers[Logic.RECORDS]) | (logic.no & logic.alwayses[Logic.RECORDS])) != 0;
+            int kind = noList ? Logic.RECORDS : noRecord ? Logic.LISTS : Logic.EITHER;
+            logic.no |= (noList ? Logic.LIST : 0) | (noRecord ? Logic.RECORD : 0);
+            if (!logic.ease(logic.nevers[kind], logic.alwayses[kind])) {
                 return Needs.ENDLESS;
             }
-            long keptYes = (yes & groups[ATOMS] & ~alwayses[kind]) | openUnions(kind);
-            long keptNo = (no & (groups[ATOMS] | LIST | RECORD) & ~(nevers[kind] & groups[ATOMS])) | openMeets(kind);
-            return needs.sizeAt(needs.placeOf(keptYes, keptNo), limit);
-        }
-
-        /** Adds all that follows from what a value is of and not of, if it is never and always of these; false if it can't be. */
-        private boolean ease(long never, long always) {
-            long knownYes = 0;
-            long knownNo = 0;
-            boolean grown = true;
-            for (int pass = 0; pass <= 2 * MOST_SCHEMAS && grown; pass++) {
-                long freshYes = yes & groups[JOINS] & ~knownYes;
-                long freshNo = no & groups[JOINS] & ~knownNo;
-                for (int i = 0; i < 2 * MOST_SCHEMAS && (freshYes | freshNo) != 0; i++) {
-                    int at = freshYes != 0 ? 4 * Long.numberOfTrailingZeros(freshYes)
-                            : 4 * Long.numberOfTrailingZeros(freshNo) + 2;
-                    freshNo &= freshYes != 0 ? -1L : freshNo - 1;
-                    freshYes &= freshYes - 1;
-                    yes |= follows[at];
-                    no |= follows[at + 1];
-                }
-                if (((yes & (no | never)) | (no & always)) != 0) {
-                    return false;
-                }
-                knownYes = yes;
-                knownNo = no;
-                yes |= drawnFrom(yes & groups[UNIONS], no | never);
-                no |= drawnFrom(no & groups[MEETS], yes | always);
-                grown = yes != knownYes || no != knownNo;
-            }
-            return true;
-        }
-
-        /** Of each choice one side of which is ruled out, the other side. */
-        private long drawnFrom(long choices, long ruledOut) {
-            long drawn = 0;
-            long rest = choices;
-            for (int i = 0; i < MOST_SCHEMAS && rest != 0; i++) {
-                int s = Long.numberOfTrailingZeros(rest);
-                rest &= rest - 1;
-                drawn |= (ruledOut >> book.firsts[s] & 1) << book.seconds[s];
-                drawn |= (ruledOut >> book.seconds[s] & 1) << book.firsts[s];
-            }
-            return drawn;
-        }
-
-        /** The unions that a value must be of, and of neither side of which it is seen to be. */
-        private long openUnions(int kind) {
-            return undecided(yes & groups[UNIONS], yes | alwayses[kind]);
-        }
-
-        /** The meets that a value must not be of, and of neither side of which it is seen not to be. */
-        private long openMeets(int kind) {
-            return undecided(no & groups[MEETS], no | nevers[kind]);
-        }
-
-        private long undecided(long choices, long decided) {
-            long open = choices;
-            long rest = choices;
-            for (int i = 0; i < MOST_SCHEMAS && rest != 0; i++) {
-                int s = Long.numberOfTrailingZeros(rest);
-                rest &= rest - 1;
-                open &= ~((decided >> book.firsts[s] & 1 | decided >> book.seconds[s] & 1) << s);
-            }
-            return open;
+            long followsYes = logic.yes;
+            long followsNo = logic.no;
+            logic.trim(kind);
+            return needs.sizeAt(needs.placeOf(logic.yes, logic.no, followsYes, followsNo), limit);
         }
     }
 
-    /**
-     * Finds the smallest value of one schema that is not of another one, by two ways in turns: up from
-     * the leaves, and down from the question. Each is sure of its answer if it came to its end; what one
-     * can't end within its bounds, the other one mostly can.
-     */
-    private static final class Search {
-        private static final int TURNS = 3;
-        private static final int[] ROWS = {512, 4096, 65536};
-        private static final int[] PAIRS = {200000, 5000000, 200000000};
-        private static final int[] ASKED = {100000, 2000000, 30000000};
-        private static final int MOST_ROUNDS = 1000000;
-        private static final int UNKNOWN = -1;
-
-        private final Schemas book;
-        private final Cone cone;
-        private final Descent descent;
-        private final Table items = new Table();
-        private final Table parts = new Table();
-        private final Table records = new Table();
-        private final Table one = new Table();
-        private final Table two = new Table();
-        private final Table[] fields = {new Table(), new Table(), new Table(), new Table()};
-        private final int[] answers = new int[MOST_SCHEMAS * (MOST_SCHEMAS + 1)];
-        private int answersEdition = UNKNOWN;
-        private int wanted;
-        private int unwanted;
-        private int best;
-        private int pairs;
-        private boolean changed;
-        private boolean isSure;
-
-        Search(Schemas book) {
-            this.book = book;
-            cone = new Cone(book);
-            descent = new Descent(book);
-        }
-
-        /** The size of the smallest value of a schema and not of another one (-1: of any); 0 if there is none. */
-        int smallest(int schema, int other) {
-            if (!book.has(schema) || schema == other) {
-                return 0;
-            }
-            if (answersEdition != book.edition) {
-                Arrays.fill(answers, UNKNOWN);
-                answersEdition = book.edition;
-            }
-            int place = schema * (MOST_SCHEMAS + 1) + other + 1;
-            if (answers[place] == UNKNOWN) {
-                wanted = schema;
-                unwanted = other;
-                best = Needs.ENDLESS;
-                isSure = false;
-                cone.prepare(schema, other);
-                for (int turn = 0; turn < TURNS && !isSure; turn++) {
-                    climb(ROWS[turn], PAIRS[turn]);
-                    if (!isSure) {
-                        descent.prepare();
-                        best = descent.smallest(schema, other, best, ASKED[turn]);
-                        isSure = descent.isSure;
-                    }
-                }
-                answers[place] = best == Needs.ENDLESS ? 0 : best;
-            }
-            return answers[place];
-        }
-
-        /**
-         * Values that the schemas can't tell apart count as one: all kinds of values that there are get built
-         * up from the leaves, with the smallest size of each, until nothing new comes.
-         */
-        private void climb(int rows, int mostPairs) {
-            isSure = true;
-            changed = true;
-            pairs = mostPairs;
-            start(rows);
-            addLeaves();
-            for (int round = 0; round < MOST_ROUNDS && changed && isSure; round++) {
-                changed = false;
-                addLists();
-                addRecords();
-            }
-        }
-
-        private void start(int rows) {
-            items.start(cone.rising, cone.falling, rows);
-            parts.start(cone.rising, cone.falling, rows);
-            records.start(cone.rising, cone.falling, rows);
-            one.start(cone.rising, cone.falling, rows);
-            two.start(cone.rising, cone.falling, rows);
-            for (int label = 0; label < LABELS; label++) {
-                fields[label].start(cone.rising, cone.falling, rows);
-                fields[label].lower(cone.withoutLabel(label), 0);
-            }
-        }
-
-        private void addLeaves() {
-            add(cone.ofLeaf('z', 0), 1);
-            add(cone.ofLeaf('b', 0), 1);
-            for (int symbol = 0; symbol <= 9; symbol++) {
-                add(cone.ofLeaf('s', symbol), 1);
-            }
-            for (int i = 0; i < cone.breaks(); i++) {
-                add(cone.ofLeaf('n', cone.breakAt(i)), 1);
-            }
-        }
-
-        /** Takes in a value by the schemas of its own kind; what is no smaller than an answer is left out. */
-        private void add(long own, int size) {
-            if (size >= best) {
-                return;
-            }
-            long bits = cone.joinedUp(own);
-            if (Cone.holds(bits, wanted) && !Cone.holds(bits, unwanted)) {
-                best = size;
-                return;
-            }
-            if (items.lower(cone.asItem(bits), size)) {
-                changed |= parts.lower(cone.asPart(bits), size);
-                isSure &= !parts.spilled;
-                for (int label = 0; label < LABELS; label++) {
-                    changed |= fields[label].lower(cone.atLabel(bits, label), size);
-                    isSure &= !fields[label].spilled;
-                }
-            }
-        }
-
-        private void addLists() {
-            Table shorter = one;
-            Table longer = two;
-            shorter.clear();
-            shorter.lower(cone.reaching(0), 0);
-            add(cone.taking(0), 1);
-            // A length that no schema reaches still counts once: its lists are of none of them.
-            for (int length = 1; length <= MOST_PARTS && cone.reaching(length - 1) != 0; length++) {
-                multiply(shorter, parts, longer, cone.reaching(length));
-                for (int i = 0; i < longer.count; i++) {
-                    add(longer.keys[i] & cone.taking(length), above(longer.sizes[i]));
-                }
-                Table free = shorter;
-                shorter = longer;
-                longer = free;
-            }
-        }
-
-        private void addRecords() {
-            multiply(fields[0], fields[1], one, ~0L);
-            multiply(one, fields[2], two, ~0L);
-            int last = fields[3].count;
-            for (int i = 0; i < two.count && isSure; i++) {
-                pay(last);
-                for (int k = 0; k < last; k++) {
-                    long key = two.keys[i] & fields[3].keys[k];
-                    int size = above(two.sizes[i] + fields[3].sizes[k]);
-                    if (size < best && records.lower(key, size)) {
-                        add(key, size);
-                    }
-                }
-            }
-        }
-
-        private static int above(int size) {
-            return Math.min(size + 1, MOST_SIZE);
-        }
-
-        private void pay(int price) {
-            isSure &= price <= pairs;
-            pairs -= Math.min(price, pairs);
-        }
-
-        /** What two tables have together, row by row, as far as it can be part of a smaller answer. */
-        private void multiply(Table left, Table right, Table into, long mask) {
-            into.clear();
-            for (int i = 0; i < left.count && isSure; i++) {
-                pay(right.count);
-                for (int k = 0; k < right.count; k++) {
-                    int size = Math.min(left.sizes[i] + right.sizes[k], MOST_SIZE);
-                    if (above(size) < best) {
-                        into.lower(left.keys[i] & right.keys[k] & mask, size);
-                    }
-                }
-                isSure &= !into.spilled;
-            }
-        }
-    }
-
-    /** The steps by which a record is seen. */
-    private static final class Lens {
+    /** Makes values from others: views by the steps of the lens, what is put back, and what is merged. */
+    private static final class Views {
         private final Values pool;
         private final char[] kinds = new char[MOST_STEPS];
         private final int[] firsts = new int[MOST_STEPS];
         private final int[] seconds = new int[MOST_STEPS];
         private final int[] trail = new int[MOST_STEPS + 1];
         private final int[] alone = {NONE, NONE, NONE, NONE};
+        /** What is merged of the parts, for each depth. */
+        private final int[] rows = new int[(MOST_DEPTH + 1) * MOST_PARTS];
         int count;
+        int clashes;
 
-        Lens(Values pool) {
+        Views(Values pool) {
             this.pool = pool;
         }
 
@@ -2739,18 +3501,8 @@ public final class Formwarden {
             alone[0] = NONE;
             return pool.labelled(record, label, pool.draft('s', 9 - before, alone, 0));
         }
-    }
 
-    /** Merges two values that came from a first one. */
-    private static final class Merger {
-        private final Values pool;
-        private final int[] rows = new int[(MOST_DEPTH + 1) * MOST_PARTS];
-        int clashes;
-
-        Merger(Values pool) {
-            this.pool = pool;
-        }
-
+        /** What is merged of two values that came from a first one. */
         int merged(int first, int one, int other) {
             clashes = 0;
             return mergedAt(first, one, other, 0);
