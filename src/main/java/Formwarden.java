@@ -23,7 +23,7 @@ public final class Formwarden {
     private final Verdicts verdicts = new Verdicts(pool, book);
     private final Schemas toldBook = new Schemas();
     private final Verdicts told = new Verdicts(pool, toldBook);
-    private final Search search = new Search(book, pool, verdicts);
+    private final Search search = new Search(book, verdicts);
     private final Views views = new Views(pool);
     private final Finder finder = new Finder(pool, book);
     private final int[] samples = new int[MOST_SAMPLES];
@@ -1132,6 +1132,18 @@ public final class Formwarden {
             return hasBit(ofValue, ofSchema);
         }
 
+        /** The smallest size of a value that was made and is of a schema and not of another one (-1: of any), or 0. */
+        int leastSize(int ofSchema, int other) {
+            int found = 0;
+            for (int v = 0; v < pool.count; v++) {
+                if (found == 0 || pool.sizes[v] < found) {
+                    work(v, 1);
+                    found = hasBit(v, ofSchema) && !hasBit(v, other) ? Math.min(pool.sizes[v], MOST_SIZE) : found;
+                }
+            }
+            return found;
+        }
+
         /** The number of faults, or a greater one than any that is counted where there are more. */
         long howMany(int ofValue, int ofSchema) {
             if (!pool.has(ofValue) || !book.has(ofSchema)) {
@@ -1447,11 +1459,6 @@ public final class Formwarden {
             sortAll();
         }
 
-        /** Gathers all schemas. */
-        void prepareAll() {
-            prepare(-1L, -1L);
-        }
-
         private void sortAll() {
             joinCount = 0;
             leafCount = 0;
@@ -1657,7 +1664,7 @@ public final class Formwarden {
 
         /** Gets ready for the schemas as they are. */
         void prepare() {
-            cone.prepareAll();
+            cone.prepare(-1L, -1L);
             addSingles();
             Arrays.fill(groups, 0);
             Arrays.fill(shut, 0);
@@ -2952,16 +2959,18 @@ public final class Formwarden {
      * about lists and records that are not empty, and what is asked of a part is tried up from the leaves, too.
      */
     private static final class Search {
+        /** Three turns up, then three turns down, and in which order they are taken: those that take less time first. */
         private static final int TURNS = 3;
+        private static final int[] STEPS = {0, 3, 1, 2, 4, 5};
         private static final int[] ROWS = {512, 8192, 1 << 18};
         private static final int[] PAIRS = {200000, 5000000, 150000000};
-        private static final int[] ASKED = {100000, 1000000, 6000000};
+        private static final int[] ASKED = {50000, 700000, 3000000};
+        private static final int[] PART_PAIRS = {200000, 5000000, 60000000};
         /** How much of the time for all parts one of them may take. */
         private static final int SHARE = 64;
         private static final int ROWS_OF_SIZE = 200;
-        /** How much time the last turns may take in all, in pairs of rows, and how many of them one question is worth. */
-        private static final long PATIENCE = 20000000000L;
-        private static final int ASKING = 128;
+        /** How many questions the last turns down may ask in all. */
+        private static final int PATIENCE = 50000000;
         private static final int FRESH = 32;
         private static final int FRESH_PROOF = 8;
         private static final int REACHES = 8;
@@ -2974,7 +2983,6 @@ public final class Formwarden {
         private static final int UNSURE = 1 << 16;
 
         private final Schemas told;
-        private final Values pool;
         private final Verdicts verdicts;
         /** What is told, in its plain form. */
         private final Schemas book = new Schemas();
@@ -2989,7 +2997,7 @@ public final class Formwarden {
         private final int[] twins = new int[MOST_PARTS];
         private final int[] answers = new int[MOST_SCHEMAS * (MOST_SCHEMAS + 1)];
         private int edition = UNKNOWN;
-        private long patience = PATIENCE;
+        private int patience = PATIENCE;
         /** No answer is smaller than this. */
         private int lower;
         private int best;
@@ -2998,9 +3006,8 @@ public final class Formwarden {
         private boolean isThere;
         private boolean isSure;
 
-        Search(Schemas told, Values pool, Verdicts verdicts) {
+        Search(Schemas told, Verdicts verdicts) {
             this.told = told;
-            this.pool = pool;
             this.verdicts = verdicts;
             logic = new Logic(book);
             climb = new Climb(book, logic);
@@ -3022,12 +3029,11 @@ public final class Formwarden {
                 lower = 1;
                 isThere = false;
                 isSure = first == second;
-                for (int turn = 0; turn < TURNS && !isSure && (turn < TURNS - 1 || patience > 0); turn++) {
-                    found = turn == 1 ? Math.min(found, smallestMade(schema, other)) : found;
-                    found = up(must, mustNot, found, turn);
-                    if (!isSure) {
-                        found = down(must, mustNot, found, turn);
-                    }
+                for (int i = 0; i < STEPS.length && !isSure; i++) {
+                    int turn = STEPS[i] % TURNS;
+                    int made = turn == 1 ? verdicts.leastSize(schema, other) : 0;
+                    found = made > 0 ? Math.min(found, made) : found;
+                    found = STEPS[i] < TURNS ? up(must, mustNot, found, turn) : down(must, mustNot, found, turn);
                 }
                 found = found == Needs.ENDLESS && isThere ? lower : found;
                 answers[place] = (found == Needs.ENDLESS ? 0 : found) | (isSure ? 0 : UNSURE);
@@ -3036,8 +3042,9 @@ public final class Formwarden {
             if (answer == answers[place]) {
                 return answer;
             }
-            int made = smallestMade(schema, other);
-            return answer == 0 && made == Needs.ENDLESS ? 0 : Math.min(answer == 0 ? made : answer, made);
+            // A value that was made since can tell more.
+            int made = verdicts.leastSize(schema, other);
+            return answer == 0 ? made : made == 0 ? answer : Math.min(answer, made);
         }
 
         /** Gets ready for the schemas as they are. */
@@ -3055,17 +3062,6 @@ public final class Formwarden {
             logic.prepare();
         }
 
-        /** The size of the smallest one of the values that were made that answers. */
-        private int smallestMade(int schema, int other) {
-            int found = Needs.ENDLESS;
-            for (int v = 0; v < pool.count; v++) {
-                if (pool.sizes[v] < found && verdicts.belongs(v, schema) && !verdicts.belongs(v, other)) {
-                    found = Math.min(pool.sizes[v], MOST_SIZE);
-                }
-            }
-            return found;
-        }
-
         /**
          * The smallest size found on the way up, or the one known, if none is smaller. If there are too many
          * kinds of values, some are left out, which may find an answer, though not the smallest one; and it is
@@ -3074,23 +3070,19 @@ public final class Formwarden {
         private int up(long must, long mustNot, int known, int turn) {
             climb.allow(ROWS[turn], PAIRS[turn]);
             int found = Math.min(known, climb.find(must, mustNot, 1, known));
-            int pairs = PAIRS[turn] - climb.pairs;
             lower = Math.max(lower, climb.floor);
             isSure = climb.isSure || found <= lower;
             if (!isSure && found == Needs.ENDLESS && turn > 0) {
                 climb.allow(ROWS[turn], PAIRS[turn]);
                 climb.thinOut(ROWS_OF_SIZE);
                 found = climb.find(must, mustNot, 1, found);
-                pairs += PAIRS[turn] - climb.pairs;
             }
             if (!isSure && found == Needs.ENDLESS && turn > 0) {
                 climb.allow(ROWS[turn], PAIRS[turn]);
                 climb.leaveSizes();
                 isThere |= climb.find(must, mustNot, 1, found) < Needs.ENDLESS;
                 isSure = climb.isSure && !isThere;
-                pairs += PAIRS[turn] - climb.pairs;
             }
-            patience -= turn == TURNS - 1 ? pairs : 0;
             return found;
         }
 
@@ -3104,8 +3096,8 @@ public final class Formwarden {
             boolean goesOn = true;
             for (int phase = known < Needs.ENDLESS || isThere ? 1 : 0; phase <= REACHES && goesOn; phase++) {
                 int reach = phase == 0 ? Needs.ENDLESS : Math.min(LEAST_REACH << phase, found);
-                left = phase <= 1 ? ASKED[turn] : left;
-                pairs = phase <= 1 ? PAIRS[turn] : pairs;
+                left = phase <= 1 ? Math.min(ASKED[turn], patience) : left;
+                pairs = phase <= 1 ? PART_PAIRS[turn] : pairs;
                 if (reach <= lower) {
                     continue;
                 }
@@ -3116,7 +3108,7 @@ public final class Formwarden {
                     best = needs.reach();
                     boolean isClimbed = false;
                     if (pairs > 0 && needs.isUntried()) {
-                        int share = Math.min(pairs, PAIRS[turn] / SHARE);
+                        int share = Math.min(pairs, PART_PAIRS[turn] / SHARE);
                         climb.allow(ROWS[turn], share);
                         int size = climb.find(needs.yes[needs.current], needs.no[needs.current], Needs.LEAST_DEEP, best);
                         pairs -= share - climb.pairs;
@@ -3134,7 +3126,7 @@ public final class Formwarden {
                     needs.done(best);
                 }
                 boolean ended = !needs.isBusy();
-                patience -= turn == TURNS - 1 ? (long) (asked - left) * ASKING : 0;
+                patience -= turn == TURNS - 1 ? Math.min(asked - left, patience) : 0;
                 found = Math.min(found, cost(must, mustNot, reach));
                 lower = ended && phase > 0 ? Math.max(lower, Math.min(reach, Math.min(found, MOST_SIZE))) : lower;
                 isSure = found <= lower || (ended && (phase == 0 ? found == Needs.ENDLESS : found <= reach));
