@@ -1616,9 +1616,10 @@ public final class Formwarden {
         static final int EITHER = 0;
         static final int LISTS = 1;
         static final int RECORDS = 2;
-        /** Two bits behind the schemas: to be a list, and to be a record. */
+        /** Three bits behind the schemas: to be a list, to be a record, and to be without a part. */
         static final long LIST = 1L << MOST_SCHEMAS;
         static final long RECORD = 2L << MOST_SCHEMAS;
+        static final long PARTLESS = 4L << MOST_SCHEMAS;
         private static final int ATOMS = 0;
         private static final int JOINS = 1;
         private static final int UNIONS = 2;
@@ -1642,8 +1643,7 @@ public final class Formwarden {
         /** For each place: the schemas that want something there, those that something there can be against .. */
         final long[] needing = new long[PLACES];
         final long[] minding = new long[PLACES];
-        /** .. those that tell anything of it, and those that let nothing be there. */
-        final long[] telling = new long[PLACES];
+        /** .. and those that let nothing be there. */
         final long[] shut = new long[PLACES];
         private final long[] groups = new long[4];
         /** The ways that are left: to be of, not to be of, and what of both another way covers already. */
@@ -1670,7 +1670,6 @@ public final class Formwarden {
             Arrays.fill(shut, 0);
             Arrays.fill(needing, 0);
             Arrays.fill(minding, 0);
-            Arrays.fill(telling, 0);
             Arrays.fill(nevers, book.never);
             Arrays.fill(alwayses, book.always);
             nevers[LISTS] |= RECORD;
@@ -1697,6 +1696,9 @@ public final class Formwarden {
             follows[at + 1] = 0;
             follows[at + 2] = 0;
             follows[at + 3] = own;
+            if (Cone.holds(book.never | book.always, s)) {
+                return;
+            }
             int a = book.kinds[s] == 'r' ? book.target(s) : book.firsts[s];
             int b = book.seconds[s];
             switch (book.kinds[s]) {
@@ -1763,14 +1765,12 @@ public final class Formwarden {
             if (book.kinds[s] == 'l') {
                 needing[IN_LIST] |= book.seconds[s] > 0 ? own : 0;
                 minding[IN_LIST] |= own;
-                telling[IN_LIST] |= own;
             }
             for (int label = 0; label < LABELS && book.kinds[s] == 'o'; label++) {
                 int item = book.itemAt(s, label);
                 boolean isBarred = (book.barred(s) >> label & 1) == 1;
                 shut[label] |= isBarred || Cone.holds(book.never, item) ? own : 0;
                 needing[label] |= book.mustHave(s, label) ? own : 0;
-                telling[label] |= isBarred || item >= 0 ? own : 0;
                 minding[label] |= isBarred || (item >= 0 && !Cone.holds(book.always, item)) ? own : 0;
             }
         }
@@ -2227,7 +2227,7 @@ public final class Formwarden {
         private final long[] mays = new long[ROOT + 1];
         private final long[] mayNots = new long[ROOT + 1];
         private final int[] counts = new int[PLACES];
-        private boolean isEmptyOut;
+        private boolean isPartlessOut;
         private long want;
         private long miss;
         private long may;
@@ -2248,7 +2248,7 @@ public final class Formwarden {
         /** Starts with a value, which perhaps is not to be of size 1, that must be of all these and of none of those. */
         void start(long must, long mustNot, boolean noSingle) {
             Arrays.fill(counts, 0);
-            isEmptyOut = noSingle;
+            isPartlessOut = noSingle;
             singles = 0;
             wants[ROOT] = must;
             misses[ROOT] = mustNot;
@@ -2265,9 +2265,8 @@ public final class Formwarden {
             fresh &= fresh - 1;
             for (int place = 0; place < PLACES && at <= ROOT; place++) {
                 long told = (mays[at] & logic.needing[place]) | (mayNots[at] & logic.minding[place]);
-                // A value that must not be empty can need a part for which nothing else asks.
-                told |= at == ROOT && isEmptyOut ? (mays[at] | mayNots[at]) & logic.telling[place] : 0;
-                if (told == 0) {
+                // A value that must not be without a part can need one for which nothing else asks.
+                if (told == 0 && !(at == ROOT && isPartlessOut)) {
                     continue;
                 }
                 want = -1L;
@@ -2505,12 +2504,12 @@ public final class Formwarden {
         /** The smallest size from the least one on, and below another one, of a value of all these and of none of those. */
         int find(long ofAll, long ofNone, int leastSize, int below) {
             must = ofAll;
-            mustNot = ofNone;
             least = leastSize;
+            mustNot = least > 1 ? ofNone | Logic.PARTLESS : ofNone;
             best = ENDLESS;
             largest = 0;
             floor = 1;
-            demands.start(must, mustNot, least > 1);
+            demands.start(ofAll, ofNone, least > 1);
             for (int i = 0; i < Demands.MOST_SPREADS && demands.fresh != 0; i++) {
                 demands.spread();
             }
@@ -2540,17 +2539,20 @@ public final class Formwarden {
         }
 
         private void start() {
+            // Where a part must be somewhere, having none at a label serves less than having one.
+            long partless = least > 1 ? Logic.PARTLESS : 0;
+            long falling = cone.falling | partless;
             for (int label = 0; label < LABELS; label++) {
-                fields[label].start(cone.rising, cone.falling, rows, rowsOfSize, isAnySize);
-                fields[label].insert(cone.withoutLabel(label));
+                fields[label].start(cone.rising, falling, rows, rowsOfSize, isAnySize);
+                fields[label].insert(cone.withoutLabel(label) | partless);
                 fields[label].close(0);
             }
-            left.start(cone.rising, cone.falling, rows, rowsOfSize, isAnySize);
-            right.start(cone.rising, cone.falling, rows, rowsOfSize, isAnySize);
+            left.start(cone.rising, falling, rows, rowsOfSize, isAnySize);
+            right.start(cone.rising, falling, rows, rowsOfSize, isAnySize);
             pairs -= left.join(fields[0], fields[1], 0, -1L, pairs);
             pairs -= right.join(fields[2], fields[3], 0, -1L, pairs);
             for (Table table : made) {
-                table.start(cone.rising, cone.falling, rows, rowsOfSize, isAnySize);
+                table.start(cone.rising, falling, rows, rowsOfSize, isAnySize);
                 table.close(0);
             }
         }
@@ -2962,6 +2964,7 @@ public final class Formwarden {
         /** Three turns up, then three turns down, and in which order they are taken: those that take less time first. */
         private static final int TURNS = 3;
         private static final int[] STEPS = {0, 3, 1, 2, 4, 5};
+        private static final int SHORT_STEPS = 3;
         private static final int[] ROWS = {512, 8192, 1 << 18};
         private static final int[] PAIRS = {200000, 5000000, 150000000};
         private static final int[] ASKED = {50000, 700000, 3000000};
@@ -2969,8 +2972,9 @@ public final class Formwarden {
         /** How much of the time for all parts one of them may take. */
         private static final int SHARE = 64;
         private static final int ROWS_OF_SIZE = 200;
-        /** How many questions the last turns down may ask in all. */
-        private static final int PATIENCE = 50000000;
+        /** How many questions the turns that are not short may ask in all, and what pairs of rows count as one question. */
+        private static final int PATIENCE = 100000000;
+        private static final int PAIRS_A_QUESTION = 64;
         private static final int FRESH = 32;
         private static final int FRESH_PROOF = 8;
         private static final int REACHES = 8;
@@ -2997,6 +3001,7 @@ public final class Formwarden {
         private final int[] twins = new int[MOST_PARTS];
         private final int[] answers = new int[MOST_SCHEMAS * (MOST_SCHEMAS + 1)];
         private int edition = UNKNOWN;
+        /** Of many hard questions the later ones get less time, so that a run comes to its end. */
         private int patience = PATIENCE;
         /** No answer is smaller than this. */
         private int lower;
@@ -3029,7 +3034,7 @@ public final class Formwarden {
                 lower = 1;
                 isThere = false;
                 isSure = first == second;
-                for (int i = 0; i < STEPS.length && !isSure; i++) {
+                for (int i = 0; i < STEPS.length && !isSure && (i < SHORT_STEPS || patience > 0); i++) {
                     int turn = STEPS[i] % TURNS;
                     int made = turn == 1 ? verdicts.leastSize(schema, other) : 0;
                     found = made > 0 ? Math.min(found, made) : found;
@@ -3068,21 +3073,26 @@ public final class Formwarden {
          * asked whether there is one at all.
          */
         private int up(long must, long mustNot, int known, int turn) {
-            climb.allow(ROWS[turn], PAIRS[turn]);
+            int most = PAIRS[turn];
+            climb.allow(ROWS[turn], most);
             int found = Math.min(known, climb.find(must, mustNot, 1, known));
+            int pairs = most - climb.pairs;
             lower = Math.max(lower, climb.floor);
             isSure = climb.isSure || found <= lower;
             if (!isSure && found == Needs.ENDLESS && turn > 0) {
-                climb.allow(ROWS[turn], PAIRS[turn]);
+                climb.allow(ROWS[turn], most);
                 climb.thinOut(ROWS_OF_SIZE);
                 found = climb.find(must, mustNot, 1, found);
+                pairs += most - climb.pairs;
             }
             if (!isSure && found == Needs.ENDLESS && turn > 0) {
-                climb.allow(ROWS[turn], PAIRS[turn]);
+                climb.allow(ROWS[turn], most);
                 climb.leaveSizes();
                 isThere |= climb.find(must, mustNot, 1, found) < Needs.ENDLESS;
                 isSure = climb.isSure && !isThere;
+                pairs += most - climb.pairs;
             }
+            patience -= turn == TURNS - 1 ? pairs / PAIRS_A_QUESTION : 0;
             return found;
         }
 
@@ -3096,7 +3106,7 @@ public final class Formwarden {
             boolean goesOn = true;
             for (int phase = known < Needs.ENDLESS || isThere ? 1 : 0; phase <= REACHES && goesOn; phase++) {
                 int reach = phase == 0 ? Needs.ENDLESS : Math.min(LEAST_REACH << phase, found);
-                left = phase <= 1 ? Math.min(ASKED[turn], patience) : left;
+                left = phase <= 1 ? ASKED[turn] : left;
                 pairs = phase <= 1 ? PART_PAIRS[turn] : pairs;
                 if (reach <= lower) {
                     continue;
@@ -3126,7 +3136,7 @@ public final class Formwarden {
                     needs.done(best);
                 }
                 boolean ended = !needs.isBusy();
-                patience -= turn == TURNS - 1 ? Math.min(asked - left, patience) : 0;
+                patience -= turn > 0 ? asked - left : 0;
                 found = Math.min(found, cost(must, mustNot, reach));
                 lower = ended && phase > 0 ? Math.max(lower, Math.min(reach, Math.min(found, MOST_SIZE))) : lower;
                 isSure = found <= lower || (ended && (phase == 0 ? found == Needs.ENDLESS : found <= reach));

@@ -21,6 +21,7 @@ public final class InclusionTest {
         cycles();
         manyRivals();
         doubled();
+        neverMet();
         wrong();
         Check.end("InclusionTest");
     }
@@ -591,6 +592,24 @@ public final class InclusionTest {
             gap(what + " the union in it", f, union, one, 0);
             gap(what + " base in the contrary", f, base, not, 5);
         }
+    }
+
+    /** A meet of contraries in other words, which no value is of, tells nothing of a value that must not be of it. */
+    private static void neverMet() {
+        Formwarden f = new Formwarden();
+        int z = f.schema('z', 0, 0, 0);
+        int inner = f.schema('o', 1, 0, 0);
+        f.field(inner, 1, z, true);
+        int either = f.schema('u', inner, z, 0);
+        int open = f.schema('o', 0, 0, 0);
+        f.field(open, 1, either, true);
+        int outer = f.schema('o', 1, 0, 0);
+        f.field(outer, 1, inner, true);
+        int not = f.schema('!', open, 0, 0);
+        int never = f.schema('&', f.schema('&', not, not, 0), open, 0);
+        least("never", f, never, 0);
+        gap("not never", f, outer, never, 3);
+        gap("not all", f, f.schema('!', never, 0, 0), outer, 1);
     }
 
     private static void wrong() {

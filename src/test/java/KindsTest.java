@@ -10,7 +10,7 @@ public final class KindsTest {
     }
 
     public static void main(String[] args) {
-        int runs = args.length > 0 ? Integer.parseInt(args[0]) : 250;
+        int runs = args.length > 0 ? Integer.parseInt(args[0]) : 1000;
         int known = 0;
         for (int seed = 0; seed < runs; seed++) {
             known += run(seed);

@@ -23,6 +23,10 @@ public final class MachinesTest {
         pinned(7, 6);
         pinned(10, 7);
         pinned(15, 14);
+        for (int near = 5; near <= 8; near++) {
+            beside(9, near);
+        }
+        beside(11, 9);
         freeTrack();
         counters();
         restated();
@@ -111,6 +115,27 @@ public final class MachinesTest {
     /** All bits that tell how the chain goes on are told at its start. */
     private static void pinned(int far, int near) {
         registers(far, near, far, RECORD_BIT);
+    }
+
+    /** Beside a pinned chain stands a record that is only told not to be empty: any single label is enough for it. */
+    private static void beside(int far, int near) {
+        Formwarden f = new Formwarden();
+        int z = f.schema('z', 0, 0, 0);
+        int[] later = later(f, record(f, false, 1, z, true), far);
+        int name = f.schema('r', 0, 0, 0);
+        int link = record(f, true, 1, z, false);
+        f.field(link, 0, name, true);
+        int right = same(f, later[0], xor(f, later[near], later[far]));
+        f.bind(0, f.schema('u', record(f, true, 1, z, true), f.schema('&', link, right, 0), 0));
+        int start = name;
+        for (int i = 0; i < far; i++) {
+            start = f.schema('&', start, later[i], 0);
+        }
+        int notEmpty = f.schema('&', f.schema('o', 0, 0, 0), f.schema('!', f.schema('o', 1, 0, 0), 0, 0), 0);
+        int both = record(f, true, 0, notEmpty, true);
+        f.field(both, 1, start, true);
+        List<Integer> bits = bits(far, near, 3000000, far);
+        least("beside " + far + " " + near, f, both, bits == null ? 0 : Math.min(1000, sizeOf(bits, 1) + 3));
     }
 
     /** A register that comes round without so many ones, and a second bit at each link that can be what it likes. */
