@@ -24,8 +24,7 @@ public final class Formwarden {
     private final Schemas toldBook = new Schemas();
     private final Verdicts told = new Verdicts(pool, toldBook);
     private final Search search = new Search(book, verdicts);
-    private final Views views = new Views(pool);
-    private final Finder finder = new Finder(pool, book);
+    private final Makers makers = new Makers(pool, book);
     private final int[] samples = new int[MOST_SAMPLES];
     private final int[] row = new int[MOST_PARTS];
     private int sampleCount;
@@ -218,13 +217,13 @@ public final class Formwarden {
 
     public int step(char kind, int a, int b)
             throws IllegalArgumentException, IndexOutOfBoundsException, IllegalStateException {
-        if (!isLabel(a) || !Views.takes(kind, a, b)) {
+        if (!isLabel(a) || !Makers.takes(kind, a, b)) {
             throw new IllegalArgumentException("no such kind, label or symbol, or both labels are the same");
         }
         if (kind == 'a') {
             needValue(b);
         }
-        int steps = views.add(kind, a, b);
+        int steps = makers.add(kind, a, b);
         if (steps < 0) {
             throw new IllegalStateException("there are 8 steps");
         }
@@ -232,8 +231,8 @@ public final class Formwarden {
     }
 
     public int clearSteps() {
-        int before = views.count;
-        views.count = 0;
+        int before = makers.stepCount;
+        makers.stepCount = 0;
         return before;
     }
 
@@ -241,7 +240,7 @@ public final class Formwarden {
             throws IndexOutOfBoundsException, UnsupportedOperationException, IllegalStateException {
         needValue(record);
         pool.dropDrafts();
-        int made = views.viewOf(record);
+        int made = makers.viewOf(record);
         if (made < 0) {
             throw new UnsupportedOperationException("it is no record, a step does not fit, or it is too deep");
         }
@@ -253,7 +252,7 @@ public final class Formwarden {
         needValue(record);
         needValue(view);
         pool.dropDrafts();
-        int made = views.viewOf(record) < 0 ? NONE : views.putBack(view);
+        int made = makers.viewOf(record) < 0 ? NONE : makers.putBack(view);
         if (made < 0) {
             throw new UnsupportedOperationException("one is no record, a step does not fit, or it is too deep");
         }
@@ -265,8 +264,8 @@ public final class Formwarden {
         needValue(one);
         needValue(other);
         pool.dropDrafts();
-        int kept = kept(views.merged(first, one, other));
-        clashes = views.clashes;
+        int kept = kept(makers.merged(first, one, other));
+        clashes = makers.clashes;
         return kept;
     }
 
@@ -291,7 +290,7 @@ public final class Formwarden {
     }
 
     public int infer() throws IllegalStateException {
-        int found = finder.found(samples, sampleCount);
+        int found = makers.found(samples, sampleCount);
         if (found < 0) {
             throw new IllegalStateException("there would be more than 50 schemas");
         }
@@ -3342,9 +3341,13 @@ public final class Formwarden {
         }
     }
 
-    /** Makes values from others: views by the steps of the lens, what is put back, and what is merged. */
-    private static final class Views {
+    /** Makes values from others (views by the steps of the lens, what is put back, what is merged), and schemas from samples. */
+    private static final class Makers {
+        private static final int LEVELS = MOST_DEPTH + 2;
+        private static final int KINDS = 6;
+
         private final Values pool;
+        private final Schemas book;
         private final char[] kinds = new char[MOST_STEPS];
         private final int[] firsts = new int[MOST_STEPS];
         private final int[] seconds = new int[MOST_STEPS];
@@ -3352,11 +3355,16 @@ public final class Formwarden {
         private final int[] alone = {NONE, NONE, NONE, NONE};
         /** What is merged of the parts, for each depth. */
         private final int[] rows = new int[(MOST_DEPTH + 1) * MOST_PARTS];
-        int count;
+        int stepCount;
         int clashes;
+        /** For each level below the samples: the values there, the schemas for labels, and those for kinds. */
+        private final int[] marks = new int[LEVELS * MOST_VALUES];
+        private final int[] items = new int[LEVELS * LABELS];
+        private final int[] found = new int[LEVELS * KINDS];
 
-        Views(Values pool) {
+        Makers(Values pool, Schemas book) {
             this.pool = pool;
+            this.book = book;
         }
 
         /** Whether there is such a step, its label a being one. */
@@ -3378,29 +3386,29 @@ public final class Formwarden {
 
         /** The number of steps with this one, or -1 if there is no room. */
         int add(char kind, int a, int b) {
-            if (count >= MOST_STEPS) {
+            if (stepCount >= MOST_STEPS) {
                 return NONE;
             }
-            kinds[count] = kind;
-            firsts[count] = a;
-            seconds[count] = b;
-            count++;
-            return count;
+            kinds[stepCount] = kind;
+            firsts[stepCount] = a;
+            seconds[stepCount] = b;
+            stepCount++;
+            return stepCount;
         }
 
         /** The view, or -1 if a step does not fit. */
         int viewOf(int record) {
             trail[0] = pool.isRecord(record) ? record : NONE;
-            for (int i = 0; i < count; i++) {
+            for (int i = 0; i < stepCount; i++) {
                 trail[i + 1] = pool.isRecord(trail[i]) ? done(i, trail[i]) : NONE;
             }
-            return trail[count];
+            return trail[stepCount];
         }
 
         /** The record that has this view, or -1 if a step does not fit, after a view was got from the old one. */
         int putBack(int view) {
             int now = view;
-            for (int i = count - 1; i >= 0; i--) {
+            for (int i = stepCount - 1; i >= 0; i--) {
                 now = pool.isRecord(now) ? undone(i, now) : NONE;
             }
             return pool.isRecord(now) ? now : NONE;
@@ -3534,23 +3542,6 @@ public final class Formwarden {
         private boolean areListsOfOneLength(int first, int one, int other) {
             return pool.isList(first) && pool.isList(one) && pool.isList(other)
                     && pool.numbers[first] == pool.numbers[one] && pool.numbers[first] == pool.numbers[other];
-        }
-    }
-
-    /** Finds a schema from samples. */
-    private static final class Finder {
-        private static final int LEVELS = MOST_DEPTH + 2;
-        private static final int KINDS = 6;
-
-        private final Values pool;
-        private final Schemas book;
-        private final int[] marks = new int[LEVELS * MOST_VALUES];
-        private final int[] items = new int[LEVELS * LABELS];
-        private final int[] found = new int[LEVELS * KINDS];
-
-        Finder(Values pool, Schemas book) {
-            this.pool = pool;
-            this.book = book;
         }
 
         /** The schema for the samples, or -1, and nothing made, if there would be too many. */
