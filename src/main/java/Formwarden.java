@@ -1599,6 +1599,44 @@ public final class Formwarden {
             return lacking[label];
         }
 
+        /** The record schemas that let any value be at a label. */
+        long lenient(int label) {
+            long those = untold[label];
+            for (int i = 0; i < recordCount; i++) {
+                int item = book.items[records[i] * LABELS + label];
+                those |= holds(book.always, item) ? bit(records[i]) : 0;
+            }
+            return those;
+        }
+
+        /**
+         * Gathers the schemas of which a value at a label can be or not be, each once, with the record
+         * schemas that hang on it; returns how many, or -1 if there are too many for the rows.
+         */
+        int gather(int label, int[] items, long[] holders) {
+            int those = 0;
+            for (int i = 0; i < recordCount; i++) {
+                int item = book.items[records[i] * LABELS + label];
+                if (item < 0 || holds(book.always | book.never, item)) {
+                    continue;
+                }
+                int place = 0;
+                for (int k = 0; k < those && items[place] != item; k++) {
+                    place++;
+                }
+                if (place >= items.length) {
+                    return NONE;
+                }
+                if (place == those) {
+                    items[those] = item;
+                    holders[those] = 0;
+                    those++;
+                }
+                holders[place] |= bit(records[i]);
+            }
+            return those;
+        }
+
         /** The list schemas that take a list of this length or a longer one. */
         long reaching(int length) {
             return alive[length];
@@ -2070,6 +2108,11 @@ public final class Formwarden {
             opened = count;
         }
 
+        /** The first row of a size that is closed; those of the size above start behind its last one. */
+        int startOf(int size) {
+            return starts[size];
+        }
+
         /** Puts a row in, if no other one serves as well; returns whether it did. */
         boolean insert(long key) {
             int slot = slotOf(key);
@@ -2201,6 +2244,169 @@ public final class Formwarden {
             otherDone = other.count;
             opened = count;
             return price;
+        }
+    }
+
+    /**
+     * The rows of one label, however many: each is told by the schemas of which the value at the label is, and
+     * is marked by one bit. The last ones of them stand in a ring, by rising sizes, until they are joined.
+     */
+    private static final class Line {
+        /** The most schemas of which a value at the label can be or not be. */
+        private static final int MOST_ITEMS = 26;
+        private static final int WORD_BITS = 6;
+        private static final int FEW_WORDS = 1 << 14;
+        private static final int MOST_WORDS = 1 << (MOST_ITEMS - WORD_BITS);
+        private static final int FEW_RING = 1 << 14;
+        private static final int MOST_RING = 1 << 20;
+        private static final int BYTE = 256;
+        private static final int BYTES = 4;
+        /** Tells the row of a record with nothing at the label. */
+        private static final int NOTHING = -1;
+
+        private final Cone cone;
+        private final int[] items = new int[MOST_ITEMS];
+        private final long[] holders = new long[MOST_ITEMS];
+        private final long[] keys = new long[BYTES * BYTE];
+        private final int[] starts = new int[MOST_SIZE + 2];
+        private long[] seen = new long[1];
+        private long[] ring = new long[1];
+        private int itemCount;
+        private int words;
+        private int count;
+        /** Where all rows are gone through: the word, its rows that are left, and the place in the ring behind that. */
+        private int word;
+        private long left;
+        private int next;
+        /** The label, or -1 if there is no line now. */
+        int label = NONE;
+        /** Whether rows were overwritten ahead of being joined, and with how many rows all others were joined. */
+        boolean isLost;
+        int partners;
+
+        Line(Cone cone) {
+            this.cone = cone;
+        }
+
+        /** Starts with nothing at the label; false if there are too many schemas for it. */
+        boolean start() {
+            itemCount = cone.gather(label, items, holders);
+            if (itemCount < 0) {
+                return false;
+            }
+            long lenient = cone.lenient(label);
+            for (int i = 0; i < BYTES; i++) {
+                keys[i * BYTE] = i == 0 ? lenient : 0;
+                for (int k = 1; k < BYTE; k++) {
+                    int item = i * 8 + Integer.numberOfTrailingZeros(k);
+                    keys[i * BYTE + k] = keys[i * BYTE + (k & (k - 1))] | (item < itemCount ? holders[item] : 0);
+                }
+            }
+            words = 1 << Math.max(0, itemCount - WORD_BITS);
+            if (seen.length < words) {
+                seen = new long[words <= FEW_WORDS ? FEW_WORDS : MOST_WORDS];
+            } else {
+                Arrays.fill(seen, 0, words, 0);
+            }
+            isLost = false;
+            partners = 0;
+            word = words;
+            left = 0;
+            next = 0;
+            count = 0;
+            starts[0] = 0;
+            append(NOTHING);
+            close(0);
+            return true;
+        }
+
+        /** Puts in the row of a value, told by all schemas of which it is; returns whether it is new. */
+        boolean insert(long bits) {
+            int row = 0;
+            for (int i = 0; i < itemCount; i++) {
+                row |= (int) (bits >> items[i] & 1) << i;
+            }
+            long mark = 1L << (row & 63);
+            if ((seen[row >> WORD_BITS] & mark) != 0) {
+                return false;
+            }
+            seen[row >> WORD_BITS] |= mark;
+            append(row);
+            return true;
+        }
+
+        private void append(int row) {
+            if (count >= 2 * ring.length && ring.length < MOST_RING) {
+                long[] old = ring;
+                ring = new long[old.length < FEW_RING ? FEW_RING : MOST_RING];
+                System.arraycopy(old, 0, ring, 0, old.length);
+            }
+            int place = count & (2 * ring.length - 1);
+            int shift = (place & 1) << 5;
+            ring[place >> 1] = (ring[place >> 1] & ~(0xFFFFFFFFL << shift)) | (row & 0xFFFFFFFFL) << shift;
+            count++;
+        }
+
+        /** All rows from now on are of a greater size. */
+        void close(int size) {
+            starts[size + 1] = count;
+        }
+
+        /** The first row of a size; those of the size above start behind its last one. */
+        int startOf(int size) {
+            return starts[size];
+        }
+
+        /** Whether a row still stands in the ring; else it is lost. */
+        boolean keeps(int place) {
+            boolean keeps = count - place <= 2 * ring.length;
+            isLost |= !keeps;
+            return keeps;
+        }
+
+        /** The record schemas that let be at the label what the row tells. */
+        long keyAt(int place) {
+            int spot = place & (2 * ring.length - 1);
+            return keyOf((int) (ring[spot >> 1] >>> ((spot & 1) << 5)));
+        }
+
+        private long keyOf(int row) {
+            if (row == NOTHING) {
+                return cone.withoutLabel(label);
+            }
+            return keys[row & 255] | keys[BYTE + (row >> 8 & 255)] | keys[2 * BYTE + (row >> 16 & 255)]
+                    | keys[3 * BYTE + (row >>> 24)];
+        }
+
+        /** Begins to go through all rows, those that come meanwhile as well. */
+        void goThrough(int partnerCount) {
+            partners = partnerCount;
+            isLost = false;
+            word = NONE;
+            left = 0;
+            next = count;
+        }
+
+        /** The key of the next row, or -1 if there is none for now. */
+        long nextKey() {
+            for (; left == 0 && word < words; ) {
+                word++;
+                left = word < words ? seen[word] : 0;
+                if (word == words) {
+                    return cone.withoutLabel(label);
+                }
+            }
+            if (left != 0) {
+                int row = word << WORD_BITS | Long.numberOfTrailingZeros(left);
+                left &= left - 1;
+                return keyOf(row);
+            }
+            if (next >= count || !keeps(next)) {
+                next = count;
+                return NONE;
+            }
+            next++;
+            return keyAt(next - 1);
         }
     }
 
@@ -2444,23 +2650,27 @@ public final class Formwarden {
      */
     private static final class Climb {
         private static final int MOST_ROUNDS = 1000000;
+        private static final int MOST_PAIRS = 1 << 30;
         private static final int ENDLESS = Needs.ENDLESS;
-        private static final int SPARE = 3;
+        private static final int SPARE = 1;
+        private static final int WIDE = 1024;
+        private static final int NARROW = 256;
         private static final int ONES = 0;
         private static final int TWOS = 1;
         private static final int THREES = 2;
         private static final int FOURS = 3;
         private static final int RECORDS = 4;
 
-        private final Logic logic;
         private final Cone cone;
         private final Demands demands;
-        private final int[] spare = {SPARE};
-        private final Table[] fields = {new Table(spare), new Table(spare), new Table(spare), new Table(spare)};
-        private final Table left = new Table(spare);
-        private final Table right = new Table(spare);
+        private final Table[] fields = new Table[LABELS];
+        /** What two labels have together, and the other two, or with a line the three others. */
+        private final Table left;
+        private final Table right;
         /** Parts of lists, lists of two, three and four parts, and records. */
-        private final Table[] made = {new Table(spare), new Table(spare), new Table(spare), new Table(spare), new Table(spare)};
+        private final Table[] made = new Table[RECORDS + 1];
+        /** Stands for the rows of a label at which there are very many, while there are few of all else. */
+        private final Line line;
         private long must;
         private long mustNot;
         private int least;
@@ -2468,7 +2678,8 @@ public final class Formwarden {
         private int largest;
         private int rows;
         private int rowsOfSize;
-        private boolean isAnySize;
+        /** Whether it is only asked whether there is an answer, or no more than that can be told. */
+        boolean isAnySize;
         /** How many pairs of rows may still be tried. */
         int pairs;
         /** No answer is smaller than this. */
@@ -2477,9 +2688,18 @@ public final class Formwarden {
         boolean isSure;
 
         Climb(Schemas book, Logic logic) {
-            this.logic = logic;
             cone = new Cone(book);
             demands = new Demands(book, logic);
+            line = new Line(cone);
+            int[] spare = {SPARE};
+            for (int i = 0; i < fields.length; i++) {
+                fields[i] = new Table(spare);
+            }
+            for (int i = 0; i < made.length; i++) {
+                made[i] = new Table(spare);
+            }
+            left = new Table(spare);
+            right = new Table(spare);
         }
 
         /** Tells how many rows a table may have, and how many pairs of rows may be tried. */
@@ -2488,6 +2708,20 @@ public final class Formwarden {
             pairs = mostPairs;
             rowsOfSize = mostRows;
             isAnySize = false;
+            line.label = NONE;
+        }
+
+        /** Tells that a label has a line for its rows; false if there is no label that had far more rows than the others. */
+        boolean drawLine() {
+            int all = 0;
+            int widest = 0;
+            for (int label = 0; label < LABELS; label++) {
+                all += fields[label].count;
+                widest = fields[label].count > fields[widest].count ? label : widest;
+            }
+            int most = fields[widest].count;
+            line.label = most >= WIDE && all - most + made[ONES].count <= NARROW ? widest : NONE;
+            return line.label >= 0;
         }
 
         /** Tells how many rows of one size a table may have; what is more is left out. */
@@ -2514,20 +2748,24 @@ public final class Formwarden {
             }
             demands.end();
             cone.prepare(demands.helpful, demands.harmful);
-            start();
+            boolean goesOn = start();
             addLeaves();
-            boolean goesOn = closeAll(1);
+            goesOn &= closeAll(1);
             int size = 2;
             for (; size < MOST_SIZE && size < below && size <= MOST_PARTS * largest + 1 && goesOn && !isAnySize; size++) {
-                join(size - 1);
+                joinLists(size - 1);
+                joinRecords(size - 1);
                 feed(size);
+                joinLine(size);
                 goesOn = closeAll(size);
+                isAnySize |= line.label >= 0 && line.isLost;
             }
-            boolean isEnd = goesOn && size > MOST_PARTS * largest + 1;
-            boolean changed = goesOn && !isEnd && size < below;
+            boolean isEnd = goesOn && !isAnySize && size > MOST_PARTS * largest + 1;
+            boolean changed = goesOn && !isEnd && (size < below || isAnySize);
             for (int round = 0; round < MOST_ROUNDS && changed && goesOn; round++) {
                 joinRest();
                 changed = feed(MOST_SIZE);
+                changed |= line.label >= 0 && joinRestOfLine();
                 goesOn = closeAll(MOST_SIZE);
                 isEnd = goesOn && !changed;
             }
@@ -2537,7 +2775,8 @@ public final class Formwarden {
             return best;
         }
 
-        private void start() {
+        /** Empties all; false if there is no room for a line. */
+        private boolean start() {
             // Where a part must be somewhere, having none at a label serves less than having one.
             long partless = least > 1 ? Logic.PARTLESS : 0;
             long falling = cone.falling | partless;
@@ -2548,12 +2787,13 @@ public final class Formwarden {
             }
             left.start(cone.rising, falling, rows, rowsOfSize, isAnySize);
             right.start(cone.rising, falling, rows, rowsOfSize, isAnySize);
-            pairs -= left.join(fields[0], fields[1], 0, -1L, pairs);
-            pairs -= right.join(fields[2], fields[3], 0, -1L, pairs);
             for (Table table : made) {
                 table.start(cone.rising, falling, rows, rowsOfSize, isAnySize);
                 table.close(0);
             }
+            boolean hasRoom = line.label < 0 || (least == 1 && line.start());
+            joinRecords(0);
+            return hasRoom;
         }
 
         private void addLeaves() {
@@ -2579,15 +2819,16 @@ public final class Formwarden {
             int places = size < least ? -1 : size == 1 ? demands.singles : 0;
             boolean isNew = ((places >> IN_LIST & 1) == 1 || demands.serves(IN_LIST, bits)) && made[ONES].insert(cone.asPart(bits));
             for (int label = 0; label < LABELS; label++) {
-                boolean serves = (places >> label & 1) == 1 || demands.serves(label, bits);
-                isNew |= serves && fields[label].insert(cone.atLabel(bits, label));
+                if ((places >> label & 1) == 1 || demands.serves(label, bits)) {
+                    isNew |= label == line.label ? line.insert(bits) : fields[label].insert(cone.atLabel(bits, label));
+                }
             }
             largest = isNew ? size : largest;
             return isNew;
         }
 
-        /** Joins parts whose sizes make this sum. */
-        private void join(int sum) {
+        /** Joins parts of lists whose sizes make this sum. */
+        private void joinLists(int sum) {
             Table parts = made[ONES];
             Table twos = made[TWOS];
             pairs -= twos.join(parts, parts, sum, cone.reaching(2), pairs);
@@ -2598,9 +2839,51 @@ public final class Formwarden {
             if (cone.taking(4) != 0 || made[FOURS].count == 0) {
                 pairs -= made[FOURS].join(twos, twos, sum, cone.taking(4), pairs);
             }
-            pairs -= left.join(fields[0], fields[1], sum, -1L, pairs);
-            pairs -= right.join(fields[2], fields[3], sum, -1L, pairs);
-            pairs -= made[RECORDS].join(left, right, sum, -1L, pairs);
+        }
+
+        /** Joins what is at labels, with sizes that make this sum. */
+        private void joinRecords(int sum) {
+            if (line.label < 0) {
+                pairs -= left.join(fields[0], fields[1], sum, -1L, pairs);
+                pairs -= right.join(fields[2], fields[3], sum, -1L, pairs);
+                pairs -= sum > 0 ? made[RECORDS].join(left, right, sum, -1L, pairs) : 0;
+            } else {
+                pairs -= left.join(fields[line.label + 1 & 3], fields[line.label + 2 & 3], sum, -1L, pairs);
+                pairs -= right.join(left, fields[line.label + 3 & 3], sum, -1L, pairs);
+            }
+        }
+
+        /** Joins the rows of the line, if there is one, with what the other labels have; the records of this size are taken in at once. */
+        private void joinLine(int size) {
+            for (int other = 0; other < size && line.label >= 0; other++) {
+                int from = right.startOf(other);
+                int to = right.startOf(other + 1);
+                int end = line.startOf(size - other);
+                for (int i = line.startOf(size - 1 - other); i < end && from < to && pairs > 0 && line.keeps(i); i++) {
+                    long key = line.keyAt(i);
+                    pairs -= to - from;
+                    for (int k = from; k < to && best == ENDLESS; k++) {
+                        add(key & right.keys[k], size, Logic.RECORD);
+                    }
+                }
+            }
+        }
+
+        /** Joins all rows of the line that were not joined; returns whether there are new parts. */
+        private boolean joinRestOfLine() {
+            boolean changed = false;
+            if (line.isLost || line.partners < right.count) {
+                line.goThrough(right.count);
+            }
+            long key = line.nextKey();
+            for (int row = 0; row < MOST_PAIRS && key >= 0 && pairs > 0 && best == ENDLESS; row++) {
+                pairs -= line.partners;
+                for (int i = 0; i < line.partners; i++) {
+                    changed |= add(key & right.keys[i], MOST_SIZE, Logic.RECORD);
+                }
+                key = line.nextKey();
+            }
+            return changed || line.isLost;
         }
 
         /** Joins all parts that were not joined, whose sizes all count the same. */
@@ -2614,9 +2897,14 @@ public final class Formwarden {
             if (cone.taking(4) != 0 || made[FOURS].count == 0) {
                 pairs -= made[FOURS].joinRest(twos, twos, cone.taking(4), pairs);
             }
-            pairs -= left.joinRest(fields[0], fields[1], -1L, pairs);
-            pairs -= right.joinRest(fields[2], fields[3], -1L, pairs);
-            pairs -= made[RECORDS].joinRest(left, right, -1L, pairs);
+            if (line.label < 0) {
+                pairs -= left.joinRest(fields[0], fields[1], -1L, pairs);
+                pairs -= right.joinRest(fields[2], fields[3], -1L, pairs);
+                pairs -= made[RECORDS].joinRest(left, right, -1L, pairs);
+            } else {
+                pairs -= left.joinRest(fields[line.label + 1 & 3], fields[line.label + 2 & 3], -1L, pairs);
+                pairs -= right.joinRest(left, fields[line.label + 3 & 3], -1L, pairs);
+            }
         }
 
         /** Takes in the lists and records that were joined, as values of this size; returns whether there are new parts. */
@@ -2646,7 +2934,11 @@ public final class Formwarden {
                 goesOn &= !table.spilled;
             }
             made[ONES].close(size);
-            floor = goesOn && !isThin() ? Math.min(size + 1, MOST_SIZE) : floor;
+            if (line.label >= 0) {
+                line.close(size);
+            }
+            boolean isWhole = goesOn && !isThin() && !isAnySize && (line.label < 0 || !line.isLost);
+            floor = isWhole ? Math.min(size + 1, MOST_SIZE) : floor;
             return goesOn;
         }
 
@@ -2674,7 +2966,7 @@ public final class Formwarden {
         static final int LEAST_DEEP = 2;
         private static final int LEAST_ROOM = 64;
         private static final int MOST_ROOM = 1 << 17;
-        private static final int GROWTH = 8;
+        private static final int GROWTH = 64;
         private static final int IDLE = 0;
         private static final int LISTED = 1;
         private static final int BARREN = 2;
@@ -2967,6 +3259,8 @@ public final class Formwarden {
         private static final int[] ROWS = {512, 8192, 1 << 18};
         private static final int[] PAIRS = {200000, 5000000, 150000000};
         private static final int[] ASKED = {50000, 700000, 3000000};
+        private static final int ROWS_BY_LINE = 4096;
+        private static final int PAIRS_BY_LINE = 150000000;
         private static final int[] PART_PAIRS = {200000, 5000000, 60000000};
         /** How much of the time for all parts one of them may take. */
         private static final int SHARE = 64;
@@ -3078,6 +3372,15 @@ public final class Formwarden {
             int pairs = most - climb.pairs;
             lower = Math.max(lower, climb.floor);
             isSure = climb.isSure || found <= lower;
+            climb.allow(ROWS_BY_LINE, turn == TURNS - 1 && !isSure ? PAIRS_BY_LINE : 0);
+            if (climb.pairs > 0 && climb.drawLine()) {
+                int size = climb.find(must, mustNot, 1, found);
+                pairs += PAIRS_BY_LINE - climb.pairs;
+                lower = Math.max(lower, climb.floor);
+                isThere |= climb.isAnySize && size < Needs.ENDLESS;
+                found = climb.isAnySize ? found : Math.min(found, size);
+                isSure = found <= lower || (climb.isSure && (!climb.isAnySize || size == Needs.ENDLESS));
+            }
             if (!isSure && found == Needs.ENDLESS && turn > 0) {
                 climb.allow(ROWS[turn], most);
                 climb.thinOut(ROWS_OF_SIZE);
