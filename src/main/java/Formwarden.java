@@ -2271,10 +2271,11 @@ public final class Formwarden {
         private final int[] starts = new int[MOST_SIZE + 2];
         private long[] seen = new long[1];
         private long[] ring = new long[1];
+        private long nothing;
         private int itemCount;
         private int words;
         private int count;
-        /** Where all rows are gone through: the word, its rows that are left, and the place in the ring behind that. */
+        /** Where all rows are gone through: the next word, the rows that are left of the one ahead, and then the place in the ring. */
         private int word;
         private long left;
         private int next;
@@ -2294,6 +2295,7 @@ public final class Formwarden {
             if (itemCount < 0) {
                 return false;
             }
+            nothing = cone.withoutLabel(label);
             long lenient = cone.lenient(label);
             for (int i = 0; i < BYTES; i++) {
                 keys[i * BYTE] = i == 0 ? lenient : 0;
@@ -2371,10 +2373,7 @@ public final class Formwarden {
         }
 
         private long keyOf(int row) {
-            if (row == NOTHING) {
-                return cone.withoutLabel(label);
-            }
-            return keys[row & 255] | keys[BYTE + (row >> 8 & 255)] | keys[2 * BYTE + (row >> 16 & 255)]
+            return row == NOTHING ? nothing : keys[row & 255] | keys[BYTE + (row >> 8 & 255)] | keys[2 * BYTE + (row >> 16 & 255)]
                     | keys[3 * BYTE + (row >>> 24)];
         }
 
@@ -2382,22 +2381,20 @@ public final class Formwarden {
         void goThrough(int partnerCount) {
             partners = partnerCount;
             isLost = false;
-            word = NONE;
+            word = 0;
             left = 0;
             next = count;
+            // Nothing at the label has no mark.
+            append(NOTHING);
         }
 
         /** The key of the next row, or -1 if there is none for now. */
         long nextKey() {
-            for (; left == 0 && word < words; ) {
-                word++;
-                left = word < words ? seen[word] : 0;
-                if (word == words) {
-                    return cone.withoutLabel(label);
-                }
+            for (; left == 0 && word < words; word++) {
+                left = seen[word];
             }
             if (left != 0) {
-                int row = word << WORD_BITS | Long.numberOfTrailingZeros(left);
+                int row = word - 1 << WORD_BITS | Long.numberOfTrailingZeros(left);
                 left &= left - 1;
                 return keyOf(row);
             }
@@ -2749,6 +2746,7 @@ public final class Formwarden {
             demands.end();
             cone.prepare(demands.helpful, demands.harmful);
             boolean goesOn = start();
+            joinRecords(0);
             addLeaves();
             goesOn &= closeAll(1);
             int size = 2;
@@ -2791,9 +2789,7 @@ public final class Formwarden {
                 table.start(cone.rising, falling, rows, rowsOfSize, isAnySize);
                 table.close(0);
             }
-            boolean hasRoom = line.label < 0 || (least == 1 && line.start());
-            joinRecords(0);
-            return hasRoom;
+            return line.label < 0 || (least == 1 && line.start());
         }
 
         private void addLeaves() {
