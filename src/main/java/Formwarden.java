@@ -3257,6 +3257,7 @@ public final class Formwarden {
         private static final int[] ASKED = {50000, 700000, 3000000};
         private static final int ROWS_BY_LINE = 4096;
         private static final int PAIRS_BY_LINE = 150000000;
+        private static final int PRICE_BY_LINE = 8;
         private static final int[] PART_PAIRS = {200000, 5000000, 60000000};
         /** How much of the time for all parts one of them may take. */
         private static final int SHARE = 64;
@@ -3371,7 +3372,7 @@ public final class Formwarden {
             climb.allow(ROWS_BY_LINE, turn == TURNS - 1 && !isSure ? PAIRS_BY_LINE : 0);
             if (climb.pairs > 0 && climb.drawLine()) {
                 int size = climb.find(must, mustNot, 1, found);
-                pairs += PAIRS_BY_LINE - climb.pairs;
+                pairs += PRICE_BY_LINE * (PAIRS_BY_LINE - climb.pairs);
                 lower = Math.max(lower, climb.floor);
                 isThere |= climb.isAnySize && size < Needs.ENDLESS;
                 found = climb.isAnySize ? found : Math.min(found, size);
