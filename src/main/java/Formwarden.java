@@ -1419,12 +1419,23 @@ public final class Formwarden {
 
     /** What matters for one question: the schemas that it hangs on, and which of them take what. */
     private static final class Cone {
+        /** A join is told by its number, those of both sides, and whether they and then the whole are turned round. */
+        private static final int FIRST = 6;
+        private static final int SECOND = 12;
+        private static final int SIDES_TURNED = 18;
+        private static final int TURNED = 19;
+
         private final Schemas book;
         private final int[] joins = new int[MOST_SCHEMAS];
         private final int[] leaves = new int[MOST_SCHEMAS];
         private final int[] lists = new int[MOST_SCHEMAS];
         private final int[] records = new int[MOST_SCHEMAS];
-        private final long[] untold = new long[LABELS];
+        /** For each label: the schemas of which a value there can be or not be, each once, and the record schemas that hang on it. */
+        private final int[] items = new int[LABELS * MOST_SCHEMAS];
+        private final long[] holders = new long[LABELS * MOST_SCHEMAS];
+        private final int[] itemCounts = new int[LABELS];
+        /** The record schemas that let any value be at a label, and those that let nothing be there. */
+        private final long[] lenient = new long[LABELS];
         private final long[] lacking = new long[LABELS];
         private final long[] alive = new long[MOST_PARTS + 1];
         private final long[] fitting = new long[MOST_PARTS + 1];
@@ -1489,17 +1500,28 @@ public final class Formwarden {
                     recordCount++;
                     break;
                 case 'u':
+                    addJoin(s, book.firsts[s], book.seconds[s], 1 << SIDES_TURNED | 1 << TURNED);
+                    break;
                 case '&':
+                    addJoin(s, book.firsts[s], book.seconds[s], 0);
+                    break;
                 case '!':
+                    addJoin(s, book.firsts[s], book.firsts[s], 1 << SIDES_TURNED);
+                    break;
                 case 'r':
-                    joins[joinCount] = s;
-                    joinCount++;
+                    // A name that is not bound is never met, and so it does not come here.
+                    addJoin(s, book.bound[book.firsts[s]], book.bound[book.firsts[s]], 0);
                     break;
                 default:
                     leaves[leafCount] = s;
                     leafCount++;
                     break;
             }
+        }
+
+        private void addJoin(int s, int first, int second, int turns) {
+            joins[joinCount] = s | first << FIRST | second << SECOND | turns;
+            joinCount++;
         }
 
         private void sortLength(int length) {
@@ -1515,14 +1537,34 @@ public final class Formwarden {
         }
 
         private void sortLabel(int label) {
-            untold[label] = 0;
+            lenient[label] = 0;
             lacking[label] = 0;
+            itemCounts[label] = 0;
             for (int i = 0; i < recordCount; i++) {
                 int s = records[i];
-                boolean open = book.itemAt(s, label) < 0 && !book.isClosed(s);
-                untold[label] |= open ? bit(s) : 0;
+                int item = book.itemAt(s, label);
+                boolean takesAll = item < 0 ? !book.isClosed(s) : holds(book.always, item);
+                lenient[label] |= takesAll ? bit(s) : 0;
                 lacking[label] |= book.mustHave(s, label) ? 0 : bit(s);
+                if (item >= 0 && !holds(book.always | book.never, item)) {
+                    hold(label, item, s);
+                }
             }
+        }
+
+        /** Notes that a record schema hangs on whether what is at a label is of another one. */
+        private void hold(int label, int item, int s) {
+            int from = label * MOST_SCHEMAS;
+            int place = from;
+            for (int i = 0; i < itemCounts[label] && items[place] != item; i++) {
+                place++;
+            }
+            if (place == from + itemCounts[label]) {
+                items[place] = item;
+                holders[place] = 0;
+                itemCounts[label]++;
+            }
+            holders[place] |= bit(s);
         }
 
         /** The schemas of its own kind that a leaf is of. */
@@ -1557,19 +1599,11 @@ public final class Formwarden {
         long joinedUp(long own) {
             long bits = own | always;
             for (int i = 0; i < joinCount; i++) {
-                int s = joins[i];
-                char kind = book.kinds[s];
-                // A name that is not bound is never met, and so it is not among the joins.
-                long one = bits >> (kind == 'r' ? book.bound[book.firsts[s]] : book.firsts[s]);
-                long is = one;
-                if (kind == 'u') {
-                    is = one | bits >> book.seconds[s];
-                } else if (kind == '&') {
-                    is = one & bits >> book.seconds[s];
-                } else if (kind == '!') {
-                    is = ~one;
-                }
-                bits |= (is & 1) << s;
+                int join = joins[i];
+                long turn = -(join >> SIDES_TURNED & 1);
+                long one = bits >> (join >> FIRST & 63) ^ turn;
+                long other = bits >> (join >> SECOND & 63) ^ turn;
+                bits |= ((one & other ^ join >> TURNED) & 1) << (join & 63);
             }
             return bits;
         }
@@ -1585,11 +1619,10 @@ public final class Formwarden {
 
         /** The record schemas that let a value be at a label. */
         long atLabel(long bits, int label) {
-            long those = untold[label];
-            for (int i = 0; i < recordCount; i++) {
-                int s = records[i];
-                int item = book.items[s * LABELS + label];
-                those |= item < 0 ? 0 : (bits >> item & 1) << s;
+            long those = lenient[label];
+            int from = label * MOST_SCHEMAS;
+            for (int i = from; i < from + itemCounts[label]; i++) {
+                those |= -(bits >> items[i] & 1) & holders[i];
             }
             return those;
         }
@@ -1599,42 +1632,13 @@ public final class Formwarden {
             return lacking[label];
         }
 
-        /** The record schemas that let any value be at a label. */
-        long lenient(int label) {
-            long those = untold[label];
-            for (int i = 0; i < recordCount; i++) {
-                int item = book.items[records[i] * LABELS + label];
-                those |= holds(book.always, item) ? bit(records[i]) : 0;
-            }
-            return those;
+        /** Of how many schemas a value at a label can be or not be. */
+        int itemsAt(int label) {
+            return itemCounts[label];
         }
 
-        /**
-         * Gathers the schemas of which a value at a label can be or not be, each once, with the record
-         * schemas that hang on it; returns how many, or -1 if there are too many for the rows.
-         */
-        int gather(int label, int[] items, long[] holders) {
-            int those = 0;
-            for (int i = 0; i < recordCount; i++) {
-                int item = book.items[records[i] * LABELS + label];
-                if (item < 0 || holds(book.always | book.never, item)) {
-                    continue;
-                }
-                int place = 0;
-                for (int k = 0; k < those && items[place] != item; k++) {
-                    place++;
-                }
-                if (place >= items.length) {
-                    return NONE;
-                }
-                if (place == those) {
-                    items[those] = item;
-                    holders[those] = 0;
-                    those++;
-                }
-                holders[place] |= bit(records[i]);
-            }
-            return those;
+        int itemOf(int label, int index) {
+            return items[label * MOST_SCHEMAS + index];
         }
 
         /** The list schemas that take a list of this length or a longer one. */
@@ -2263,14 +2267,16 @@ public final class Formwarden {
         private static final int BYTES = 4;
         /** Tells the row of a record with nothing at the label. */
         private static final int NOTHING = -1;
+        private static final int RECENT = 1 << 12;
 
         private final Cone cone;
         private final int[] items = new int[MOST_ITEMS];
-        private final long[] holders = new long[MOST_ITEMS];
         private final long[] keys = new long[BYTES * BYTE];
         private final int[] starts = new int[MOST_SIZE + 2];
         private long[] seen = new long[1];
         private long[] ring = new long[1];
+        /** Some of the records that were joined last: to take them in once more would tell nothing. */
+        private final long[] recent = new long[RECENT];
         private long nothing;
         private int itemCount;
         private int words;
@@ -2291,19 +2297,23 @@ public final class Formwarden {
 
         /** Starts with nothing at the label; false if there are too many schemas for it. */
         boolean start() {
-            itemCount = cone.gather(label, items, holders);
-            if (itemCount < 0) {
+            itemCount = cone.itemsAt(label);
+            if (itemCount > MOST_ITEMS) {
                 return false;
             }
+            for (int i = 0; i < itemCount; i++) {
+                items[i] = cone.itemOf(label, i);
+            }
             nothing = cone.withoutLabel(label);
-            long lenient = cone.lenient(label);
             for (int i = 0; i < BYTES; i++) {
-                keys[i * BYTE] = i == 0 ? lenient : 0;
+                keys[i * BYTE] = cone.atLabel(0, label);
                 for (int k = 1; k < BYTE; k++) {
                     int item = i * 8 + Integer.numberOfTrailingZeros(k);
-                    keys[i * BYTE + k] = keys[i * BYTE + (k & (k - 1))] | (item < itemCount ? holders[item] : 0);
+                    keys[i * BYTE + k] = keys[i * BYTE + (k & (k - 1))]
+                            | (item < itemCount ? cone.atLabel(1L << items[item], label) : 0);
                 }
             }
+            Arrays.fill(recent, NOTHING);
             words = 1 << Math.max(0, itemCount - WORD_BITS);
             if (seen.length < words) {
                 seen = new long[words <= FEW_WORDS ? FEW_WORDS : MOST_WORDS];
@@ -2335,6 +2345,14 @@ public final class Formwarden {
             seen[row >> WORD_BITS] |= mark;
             append(row);
             return true;
+        }
+
+        /** Whether a record, told by its own schemas, was not joined just before. */
+        boolean isFresh(long own) {
+            int spot = (int) (own * Table.SPREAD >>> 32) & (RECENT - 1);
+            boolean isFresh = recent[spot] != own;
+            recent[spot] = own;
+            return isFresh;
         }
 
         private void append(int row) {
@@ -2859,7 +2877,9 @@ public final class Formwarden {
                     long key = line.keyAt(i);
                     pairs -= to - from;
                     for (int k = from; k < to && best == ENDLESS; k++) {
-                        add(key & right.keys[k], size, Logic.RECORD);
+                        if (line.isFresh(key & right.keys[k])) {
+                            add(key & right.keys[k], size, Logic.RECORD);
+                        }
                     }
                 }
             }
@@ -2875,7 +2895,9 @@ public final class Formwarden {
             for (int row = 0; row < MOST_PAIRS && key >= 0 && pairs > 0 && best == ENDLESS; row++) {
                 pairs -= line.partners;
                 for (int i = 0; i < line.partners; i++) {
-                    changed |= add(key & right.keys[i], MOST_SIZE, Logic.RECORD);
+                    if (line.isFresh(key & right.keys[i])) {
+                        changed |= add(key & right.keys[i], MOST_SIZE, Logic.RECORD);
+                    }
                 }
                 key = line.nextKey();
             }
@@ -3256,8 +3278,8 @@ public final class Formwarden {
         private static final int[] PAIRS = {200000, 5000000, 150000000};
         private static final int[] ASKED = {50000, 700000, 3000000};
         private static final int ROWS_BY_LINE = 4096;
-        private static final int PAIRS_BY_LINE = 150000000;
-        private static final int PRICE_BY_LINE = 8;
+        private static final int PAIRS_BY_LINE = 250000000;
+        private static final int PRICE_BY_LINE = 4;
         private static final int[] PART_PAIRS = {200000, 5000000, 60000000};
         /** How much of the time for all parts one of them may take. */
         private static final int SHARE = 64;
