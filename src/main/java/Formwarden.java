@@ -170,7 +170,7 @@ public final class Formwarden {
         needSchema(schema);
         toldBook.become(book);
         told.remember(value, schema);
-        return told.remembered;
+        return (int) Math.min(told.remembered, Integer.MAX_VALUE);
     }
 
     public char faultAt(int index) throws IndexOutOfBoundsException {
@@ -1114,7 +1114,8 @@ public final class Formwarden {
         private int value = NONE;
         private int schema = NONE;
         private long left;
-        int remembered;
+        /** How many faults were found last; there can be more than an int holds. */
+        long remembered;
         char letter;
         int path;
 
@@ -1156,7 +1157,7 @@ public final class Formwarden {
             work(ofValue, 1);
             value = ofValue;
             schema = ofSchema;
-            remembered = (int) Math.min(counted(ofValue, ofSchema), Integer.MAX_VALUE);
+            remembered = counted(ofValue, ofSchema);
         }
 
         private void work(int v, int depth) {

@@ -15,6 +15,7 @@ public final class SchemasTest {
         nearest();
         remembered();
         many();
+        atTheGreatestIndex();
         nearestOfMany();
         Check.end("SchemasTest");
     }
@@ -284,6 +285,71 @@ public final class SchemasTest {
         Check.due("the last", f.faultAt((1 << 21) - 1), 'k');
         Check.raises("no such", IndexOutOfBoundsException.class, () -> f.faultAt(1 << 21));
         Check.raises("no values", NoSuchElementException.class, () -> f.least(0));
+    }
+
+    /** As many faults as there are indexes that an int can hold, one less, and far more. */
+    private static void atTheGreatestIndex() {
+        int most = Integer.MAX_VALUE;
+        Formwarden f = new Formwarden();
+        int v = f.value('z', 0);
+        int none = f.schema('0', 0, 0, 0);
+        int both = f.schema('&', none, f.schema('n', 0, 0, 0), 0);
+        both = times(f, both, 29);
+        Check.due("2^30", f.faults(v, both), 1 << 30);
+        at(f, (1 << 30) - 1, 'k', 0);
+        Check.raises("2^30", IndexOutOfBoundsException.class, () -> f.faultAt(1 << 30));
+        Check.raises("2^30", IndexOutOfBoundsException.class, () -> f.pathAt(1 << 30));
+        both = times(f, both, 1);
+        f.faults(v, both);
+        at(f, most - 1, '0', 0);
+        at(f, most, 'k', 0);
+        f.faults(v, f.schema('&', none, times(f, both, 9), 0));
+        at(f, most - 1, 'k', 0);
+        at(f, most, '0', 0);
+        Check.raises("-1", IndexOutOfBoundsException.class, () -> f.faultAt(-1));
+        Check.raises("least", IndexOutOfBoundsException.class, () -> f.pathAt(Integer.MIN_VALUE));
+        oneLess();
+    }
+
+    /** So many times doubled. */
+    private static int times(Formwarden f, int schema, int times) {
+        int s = schema;
+        for (int i = 0; i < times; i++) {
+            s = f.schema('&', s, s, 0);
+        }
+        return s;
+    }
+
+    /** 2^31 - 1 faults: 2^26 - 1 are joined, and five times those of both parts of a list come behind the length's. */
+    private static void oneLess() {
+        Formwarden f = new Formwarden();
+        int v = f.value('z', 0);
+        int one = f.schema('0', 0, 0, 0);
+        int three = f.schema('&', f.schema('&', one, one, 0), one, 0);
+        int seven = f.schema('&', times(f, three, 1), one, 0);
+        int six = f.schema('&', times(f, seven, 3), seven, 0);
+        int twelve = f.schema('&', times(f, six, 6), six, 0);
+        int thirteen = f.schema('&', times(f, twelve, 1), one, 0);
+        int s = f.schema('&', times(f, thirteen, 13), thirteen, 0);
+        Check.due("2^26 - 1", f.faults(v, s), (1 << 26) - 1);
+        for (int i = 0; i < 5; i++) {
+            s = f.schema('l', s, 3, 4);
+            v = f.list(v, v, -1, -1);
+        }
+        int most = Integer.MAX_VALUE;
+        Check.due("2^31 - 1", f.faults(v, s), most);
+        at(f, 0, 'g', 0);
+        at(f, most - 1, '0', 66666);
+        Check.raises("2^31 - 1", IndexOutOfBoundsException.class, () -> f.faultAt(most));
+        Check.raises("2^31 - 1", IndexOutOfBoundsException.class, () -> f.pathAt(most));
+        f.faults(v, f.schema('&', s, f.schema('n', 0, 0, 0), 0));
+        at(f, most - 1, '0', 66666);
+        at(f, most, 'k', 0);
+    }
+
+    private static void at(Formwarden f, int index, char letter, int path) {
+        Check.due("fault at " + index, f.faultAt(index), letter);
+        Check.due("path at " + index, f.pathAt(index), path);
     }
 
     /** A name for lists of what it names, each fault of which counts so many times doubled. */
