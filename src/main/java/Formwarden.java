@@ -1418,19 +1418,24 @@ public final class Formwarden {
         }
     }
 
-    /** What matters for one question: the schemas that it hangs on, and which of them take what. */
+    /**
+     * What matters for one question: the schemas that it hangs on, and which of them take what. The record
+     * schemas among them are told in bits of their own, from the first one on, and so are the list schemas.
+     */
     private static final class Cone {
         /** A join is told by its number, those of both sides, and whether they and then the whole are turned round. */
         private static final int FIRST = 6;
         private static final int SECOND = 12;
         private static final int SIDES_TURNED = 18;
         private static final int TURNED = 19;
+        /** What is without a part counts as being of one more record schema. */
+        private static final int PARTLESS = MOST_SCHEMAS + 2;
 
         private final Schemas book;
         private final int[] joins = new int[MOST_SCHEMAS];
         private final int[] leaves = new int[MOST_SCHEMAS];
         private final int[] lists = new int[MOST_SCHEMAS];
-        private final int[] records = new int[MOST_SCHEMAS];
+        private final int[] records = new int[MOST_SCHEMAS + 1];
         /** For each label: the schemas of which a value there can be or not be, each once, and the record schemas that hang on it. */
         private final int[] items = new int[LABELS * MOST_SCHEMAS];
         private final long[] holders = new long[LABELS * MOST_SCHEMAS];
@@ -1438,6 +1443,7 @@ public final class Formwarden {
         /** The record schemas that let any value be at a label, and those that let nothing be there. */
         private final long[] lenient = new long[LABELS];
         private final long[] lacking = new long[LABELS];
+        /** The list schemas that take a list of a length or a longer one, and those that take lists of this length. */
         private final long[] alive = new long[MOST_PARTS + 1];
         private final long[] fitting = new long[MOST_PARTS + 1];
         private int joinCount;
@@ -1463,9 +1469,10 @@ public final class Formwarden {
         }
 
         /** Gathers what tells of how many of the first ones, and how few of the others, a value is. */
-        void prepare(long helpful, long harmful) {
-            rising = helpful & ~(book.always | book.never);
-            falling = harmful & ~(book.always | book.never);
+        void prepare(long helpful, long harmful, boolean mindsParts) {
+            long all = bit(MOST_SCHEMAS) - 1 & ~(book.always | book.never);
+            rising = helpful & all;
+            falling = harmful & all | (mindsParts ? Logic.PARTLESS : 0);
             around = rising | falling;
             sortAll();
         }
@@ -1478,9 +1485,13 @@ public final class Formwarden {
             always = book.always;
             for (int i = 0; i < book.count; i++) {
                 int s = book.order[i];
-                if (holds(around & ~(book.always | book.never), s)) {
+                if (holds(around, s)) {
                     sort(s);
                 }
+            }
+            if (holds(around, PARTLESS)) {
+                records[recordCount] = PARTLESS;
+                recordCount++;
             }
             for (int length = 0; length <= MOST_PARTS; length++) {
                 sortLength(length);
@@ -1531,8 +1542,8 @@ public final class Formwarden {
             for (int i = 0; i < listCount; i++) {
                 int s = lists[i];
                 if (book.thirds[s] >= length) {
-                    alive[length] |= bit(s);
-                    fitting[length] |= book.seconds[s] <= length ? bit(s) : 0;
+                    alive[length] |= 1L << i;
+                    fitting[length] |= book.seconds[s] <= length ? 1L << i : 0;
                 }
             }
         }
@@ -1544,17 +1555,17 @@ public final class Formwarden {
             for (int i = 0; i < recordCount; i++) {
                 int s = records[i];
                 int item = book.itemAt(s, label);
-                boolean takesAll = item < 0 ? !book.isClosed(s) : holds(book.always, item);
-                lenient[label] |= takesAll ? bit(s) : 0;
-                lacking[label] |= book.mustHave(s, label) ? 0 : bit(s);
+                boolean takesAll = item < 0 ? s != PARTLESS && !book.isClosed(s) : holds(book.always, item);
+                lenient[label] |= takesAll ? 1L << i : 0;
+                lacking[label] |= book.mustHave(s, label) ? 0 : 1L << i;
                 if (item >= 0 && !holds(book.always | book.never, item)) {
-                    hold(label, item, s);
+                    hold(label, item, i);
                 }
             }
         }
 
-        /** Notes that a record schema hangs on whether what is at a label is of another one. */
-        private void hold(int label, int item, int s) {
+        /** Notes that one of the record schemas hangs on whether what is at a label is of a schema. */
+        private void hold(int label, int item, int record) {
             int from = label * MOST_SCHEMAS;
             int place = from;
             for (int i = 0; i < itemCounts[label] && items[place] != item; i++) {
@@ -1565,7 +1576,7 @@ public final class Formwarden {
                 holders[place] = 0;
                 itemCounts[label]++;
             }
-            holders[place] |= bit(s);
+            holders[place] |= 1L << record;
         }
 
         /** The schemas of its own kind that a leaf is of. */
@@ -1613,17 +1624,47 @@ public final class Formwarden {
         long asPart(long bits) {
             long those = 0;
             for (int i = 0; i < listCount; i++) {
-                those |= (bits >> book.firsts[lists[i]] & 1) << lists[i];
+                those |= (bits >> book.firsts[lists[i]] & 1) << i;
             }
             return those;
         }
 
-        /** The record schemas that let a value be at a label. */
+        /** Of which schemas that matter at a label a value is: a bit for each of them. */
         long atLabel(long bits, int label) {
+            long row = 0;
+            int from = label * MOST_SCHEMAS;
+            for (int i = 0; i < itemCounts[label]; i++) {
+                row |= (bits >> items[from + i] & 1) << i;
+            }
+            return row;
+        }
+
+        /** The record schemas that let a value be at a label, as it is told by such bits. */
+        long keyOf(long row, int label) {
             long those = lenient[label];
             int from = label * MOST_SCHEMAS;
-            for (int i = from; i < from + itemCounts[label]; i++) {
-                those |= -(bits >> items[i] & 1) & holders[i];
+            for (int i = 0; i < itemCounts[label]; i++) {
+                those |= -(row >> i & 1) & holders[from + i];
+            }
+            return those;
+        }
+
+        /** Whether nothing at a label serves as well as a value that is told by such bits. */
+        boolean isNothingAsGood(long row, int label) {
+            if (rising == falling) {
+                return false;
+            }
+            long key = keyOf(row, label);
+            long lost = key & ~lacking[label];
+            long won = lacking[label] & ~key;
+            return (lost & recordsAmong(rising)) == 0 && (won & recordsAmong(falling)) == 0;
+        }
+
+        /** Those of the schemas that matter at a label on which some of these record schemas hang. */
+        long itemsOf(long records, int label) {
+            long those = 0;
+            for (int i = 0; i < itemCounts[label]; i++) {
+                those |= (holders[label * MOST_SCHEMAS + i] & records) == 0 ? 0 : 1L << i;
             }
             return those;
         }
@@ -1638,8 +1679,12 @@ public final class Formwarden {
             return itemCounts[label];
         }
 
-        int itemOf(int label, int index) {
-            return items[label * MOST_SCHEMAS + index];
+        int listWidth() {
+            return listCount;
+        }
+
+        int recordWidth() {
+            return recordCount;
         }
 
         /** The list schemas that take a list of this length or a longer one. */
@@ -1650,6 +1695,42 @@ public final class Formwarden {
         /** The list schemas that take lists of this length. */
         long taking(int length) {
             return fitting[length];
+        }
+
+        /** The schemas that some list schemas, or record schemas, are, which are told in bits of their own. */
+        long ofLists(long those) {
+            return told(those, lists);
+        }
+
+        long ofRecords(long those) {
+            return told(those, records);
+        }
+
+        private static long told(long those, int[] schemas) {
+            long bits = 0;
+            long rest = those;
+            for (int n = 0; n < MOST_SCHEMAS && rest != 0; n++) {
+                bits |= 1L << schemas[Long.numberOfTrailingZeros(rest)];
+                rest &= rest - 1;
+            }
+            return bits;
+        }
+
+        /** Those of the list schemas, or of the record schemas, that are among these, in bits of their own. */
+        long listsAmong(long bits) {
+            return among(bits, lists, listCount);
+        }
+
+        long recordsAmong(long bits) {
+            return among(bits, records, recordCount);
+        }
+
+        private static long among(long bits, int[] schemas, int count) {
+            long those = 0;
+            for (int i = 0; i < count; i++) {
+                those |= (bits >> schemas[i] & 1) << i;
+            }
+            return those;
         }
     }
 
@@ -1706,7 +1787,7 @@ public final class Formwarden {
 
         /** Gets ready for the schemas as they are. */
         void prepare() {
-            cone.prepare(-1L, -1L);
+            cone.prepare(-1L, -1L, false);
             addSingles();
             Arrays.fill(groups, 0);
             Arrays.fill(shut, 0);
@@ -1821,8 +1902,8 @@ public final class Formwarden {
             singleCount = 0;
             addSingle(cone.ofLeaf('z', 0));
             addSingle(cone.ofLeaf('b', 0));
-            addSingle(cone.taking(0));
-            addSingle(cone.withoutLabel(0) & cone.withoutLabel(1) & cone.withoutLabel(2) & cone.withoutLabel(3));
+            addSingle(cone.ofLists(cone.taking(0)));
+            addSingle(cone.ofRecords(cone.withoutLabel(0) & cone.withoutLabel(1) & cone.withoutLabel(2) & cone.withoutLabel(3)));
             for (int symbol = 0; symbol <= 9; symbol++) {
                 addSingle(cone.ofLeaf('s', symbol));
             }
@@ -2038,36 +2119,166 @@ public final class Formwarden {
         }
     }
 
+    /**
+     * The words in which all rows of a climb stand; when a climb begins, all of them are free. Rows have
+     * parts of them, and so have marks and slots by which rows are found. It also sifts what rows of two
+     * tables have together, so that what was seen is seldom seen again.
+     */
+    private static final class Room {
+        static final int CHUNK = 512;
+        /** How many rows are joined with each other at once. */
+        static final int LANE = 1024;
+        /** The most bits for which there can be a mark each. */
+        static final int MOST_MARKED = 26;
+        static final long SPREAD = 0x9E3779B97F4A7C15L;
+        private static final int[] SIZES = {1 << 14, 1 << 18, 5 << 20};
+        private static final int WORD_BITS = 6;
+        private static final int FEW = 256;
+        private static final int MANY = 1 << 17;
+        private static final int KINDS = 3;
+
+        long[] words = new long[SIZES[0]];
+        private int used;
+        private int spare;
+        final long[] lane = new long[LANE];
+        /** What came through the sieve, of what was joined last. */
+        final long[] fresh = new long[LANE];
+        /** For lists and for records: where the sieve is, how many words it has, of how many bits rows are, and what came through. */
+        private final int[] sieves = new int[KINDS];
+        private final int[] meshes = new int[KINDS];
+        private final int[] widths = new int[KINDS];
+        private final int[] passed = new int[KINDS];
+        /** How many rows a table may have, how many of one size, and whether better ones can take the place of others. */
+        int rows;
+        int quota;
+        boolean replaces;
+
+        /** Frees all, and starts sieves for lists and records of so many bits. */
+        void clear(int listWidth, int recordWidth) {
+            used = 0;
+            spare = NONE;
+            for (int kind = Logic.LISTS; kind <= Logic.RECORDS; kind++) {
+                widths[kind] = kind == Logic.LISTS ? listWidth : recordWidth;
+                passed[kind] = 0;
+                meshes[kind] = FEW;
+                sieves[kind] = used;
+                used += FEW;
+                Arrays.fill(words, sieves[kind], used, isExact(kind) ? 0 : NONE);
+            }
+        }
+
+        /** Whether the sieve has a mark for each row; otherwise it has some of the rows that came last. */
+        private boolean isExact(int kind) {
+            return widths[kind] <= MOST_MARKED && meshes[kind] >= 1 << Math.max(0, widths[kind] - WORD_BITS);
+        }
+
+        /** How many words have a mark for each row of so many bits. */
+        static int marksFor(int width) {
+            return 1 << Math.max(0, width - WORD_BITS);
+        }
+
+        /** Makes the sieve finer if much comes through. */
+        void refine(int kind) {
+            int size = widths[kind] <= MOST_MARKED ? marksFor(widths[kind]) : MANY;
+            if (meshes[kind] >= size || passed[kind] < size / 4) {
+                return;
+            }
+            int finer = take(size);
+            if (finer >= 0) {
+                give(sieves[kind], meshes[kind]);
+                sieves[kind] = finer;
+                meshes[kind] = size;
+                Arrays.fill(words, finer, finer + size, isExact(kind) ? 0 : NONE);
+            }
+        }
+
+        /** Whether it is known that a row came through the sieve. */
+        boolean hasSifted(long row, int kind) {
+            return isExact(kind) ? (words[sieves[kind] + (int) (row >>> WORD_BITS)] >>> row & 1) == 1
+                    : words[sieves[kind] + ((int) (row * SPREAD >>> 32) & meshes[kind] - 1)] == row;
+        }
+
+        /** The place of so many free words in a row, or -1. */
+        int take(int size) {
+            if (size == CHUNK && spare >= 0) {
+                int taken = spare;
+                spare = (int) words[taken];
+                return taken;
+            }
+            for (int i = 1; i < SIZES.length && used + size > words.length; i++) {
+                if (words.length < SIZES[i]) {
+                    words = Arrays.copyOf(words, SIZES[i]);
+                }
+            }
+            if (used + size > words.length) {
+                return NONE;
+            }
+            used += size;
+            return used - size;
+        }
+
+        /** Frees words. */
+        void give(int place, int size) {
+            for (int i = 0; i + CHUNK <= size; i += CHUNK) {
+                words[place + i] = spare;
+                spare = place + i;
+            }
+        }
+
+        /** Joins a row with those in the lane; returns how many came through the sieve. */
+        int sift(long key, int count, int kind) {
+            int found = 0;
+            int from = sieves[kind];
+            int last = meshes[kind] - 1;
+            boolean isExact = isExact(kind);
+            for (int i = 0; i < count && i < LANE; i++) {
+                long row = key & lane[i];
+                int place = from + (isExact ? (int) (row >>> WORD_BITS) : (int) (row * SPREAD >>> 32) & last);
+                long word = words[place];
+                if (isExact ? (word >>> row & 1) == 0 : word != row) {
+                    words[place] = isExact ? word | 1L << row : row;
+                    fresh[found] = row;
+                    found++;
+                }
+            }
+            passed[kind] += found;
+            return found;
+        }
+    }
+
     /** Rows of bits, each once, in the order of the sizes with which they came. */
     private static final class Table {
-        private static final int LEAST_ROOM = 32;
-        /** The room that each table may have, and the room that some few may have. */
-        private static final int SURE_ROOM = 1 << 16;
-        private static final int MOST_ROOM = 1 << 18;
-        private static final int GROWTH = 16;
+        private static final int LEAST_SLOTS = 64;
+        private static final int GROWTH = 4;
         private static final int LOOKS = 64;
-        private static final long SPREAD = 0x9E3779B97F4A7C15L;
+        private static final int CHUNK_BITS = 9;
+        private static final int IN_CHUNK = Room.CHUNK - 1;
 
-        long[] keys = new long[LEAST_ROOM];
-        private int[] slots = new int[2 * LEAST_ROOM];
+        private final Room room;
+        /** For the rows of a label, what they tell of the record schemas; the first one tells that nothing is there. */
+        private final Cone cone;
+        private final int label;
+        /** Where in the room the rows stand, and of how many bits they are. */
+        private int[] chunks = new int[16];
+        private int width;
         /** Where the rows of each size start, and the greatest size that has some. */
         private final int[] starts = new int[MOST_SIZE + 2];
         private int top;
-        /** How many more tables may have much room. */
-        private final int[] spare;
         /** The bits that it helps to have, and those that it helps not to have. */
         private long more;
         private long fewer;
-        /** How many rows there may be, and how many of one size, which start here. */
-        private int most;
-        private int quota;
+        /** Where the rows of the size that is not closed start. */
         private int opened;
-        /** Whether rows that were not joined make room for better ones; then more slots are taken than there are rows. */
-        private boolean replaces;
+        /** How many slots are taken: more than there are rows, if rows took the place of others. */
         private int taken;
-        /** How many rows of two others were joined, each with each. */
-        private int oneDone;
-        private int otherDone;
+        /** Where the slots are that tell the rows, and how many; none if there is a mark for each row there can be. */
+        private int slots;
+        private int slotCount;
+        /** Whether the first rows may make room for the last ones, and how many did. */
+        boolean loses;
+        int lost;
+        /** Whether a row was wanted that was lost. */
+        boolean isLost;
         int count;
         /** How many of the rows were passed on. */
         int fed;
@@ -2076,34 +2287,45 @@ public final class Formwarden {
         /** Whether a row was left out, for there were enough of its size. */
         boolean isThin;
 
-        Table(int[] spare) {
-            this.spare = spare;
+        Table(Room room, Cone cone, int label) {
+            this.room = room;
+            this.cone = cone;
+            this.label = label;
         }
 
-        /** Empties the table for so many rows, and so many of one size, of bits of which some help and some harm. */
-        void start(long rising, long falling, int rows, int rowsOfSize, boolean isReplacing) {
-            if (taken == count) {
-                for (int i = count - 1; i >= 0; i--) {
-                    slots[slotOf(keys[i])] = 0;
-                }
-            } else {
-                Arrays.fill(slots, 0);
-            }
+        /** Empties the table for rows of so many bits, of which some help and some harm. */
+        void start(int bits, long rising, long falling) {
+            width = bits;
+            more = rising;
+            fewer = falling;
             count = 0;
             taken = 0;
             opened = 0;
             fed = 0;
+            lost = 0;
+            isLost = false;
             top = NONE;
-            oneDone = 0;
-            otherDone = 0;
-            more = rising;
-            fewer = falling;
-            most = Math.min(rows, MOST_ROOM);
-            quota = rowsOfSize;
-            replaces = isReplacing;
-            spilled = false;
-            isThin = false;
             starts[0] = 0;
+            isThin = false;
+            loses = false;
+            slotCount = width <= Room.MOST_MARKED && Room.marksFor(width) <= LEAST_SLOTS / 2 ? 0 : LEAST_SLOTS;
+            slots = room.take(LEAST_SLOTS / 2);
+            spilled = slots < 0;
+            if (!spilled) {
+                Arrays.fill(room.words, slots, slots + LEAST_SLOTS / 2, 0);
+            }
+        }
+
+        /** Starts the rows of a label with one that tells that nothing is there, which has no mark and no slot. */
+        void addNothing() {
+            count = 1;
+            chunks[0] = room.take(Room.CHUNK);
+            spilled |= chunks[0] < 0;
+        }
+
+        /** All rows from now on count as later ones. */
+        void closeRound() {
+            opened = count;
         }
 
         /** All rows from now on are of a greater size. */
@@ -2118,311 +2340,173 @@ public final class Formwarden {
             return starts[size];
         }
 
+        int top() {
+            return top;
+        }
+
+        /** What a row tells of the record schemas, or of the list schemas. */
+        long keyAt(int place) {
+            if (label >= 0 && place == 0) {
+                return cone.withoutLabel(label);
+            }
+            long row = room.words[chunks[place >> CHUNK_BITS] + (place & IN_CHUNK)];
+            return label < 0 ? row : cone.keyOf(row, label);
+        }
+
+        /** Puts what some rows tell, as far as a mask shows it, in the lane; returns how many. */
+        int load(int from, int to, long mask) {
+            int loaded = Math.min(to - from, Room.LANE);
+            for (int i = 0; i < loaded; i++) {
+                room.lane[i] = keyAt(from + i) & mask;
+            }
+            return loaded;
+        }
+
         /** Puts a row in, if no other one serves as well; returns whether it did. */
-        boolean insert(long key) {
-            int slot = slotOf(key);
-            if (slots[slot] > 0 || isOutdone(key)) {
+        boolean insert(long row) {
+            if (spilled) {
                 return false;
             }
-            if (count - opened >= quota) {
+            int slot = slotCount > 0 ? slotOf(row) : NONE;
+            int told = slot < 0 ? slots + (int) (row >>> 6) : slots + (slot >> 1);
+            boolean isKnown = slot < 0 ? (room.words[told] >>> row & 1) == 1 : (int) (room.words[told] >>> ((slot & 1) << 5)) > 0;
+            if (isKnown || isOutdone(row)) {
+                return false;
+            }
+            if (count - opened >= room.quota) {
                 isThin = true;
                 return false;
             }
-            if (count >= keys.length && count < most) {
-                grow();
-                slot = slotOf(key);
+            if (slotCount > 0 && 2 * taken >= slotCount) {
+                int size = GROWTH * slotCount / 2;
+                size = width <= Room.MOST_MARKED ? Math.min(size, Room.marksFor(width)) : size;
+                widen(room.take(size), size);
             }
-            if (count >= most || count >= keys.length) {
-                spilled = true;
+            int place = room.replaces ? outdone(row) : NONE;
+            if (place < 0) {
+                place = count;
+                if ((count & IN_CHUNK) == 0) {
+                    hold(room.take(Room.CHUNK));
+                }
+                spilled |= count >= room.rows;
+                count += spilled ? 0 : 1;
+            }
+            if (spilled) {
                 return false;
             }
-            if (replaces && replacesOne(key, slot)) {
-                return true;
+            room.words[chunks[place >> CHUNK_BITS] + (place & IN_CHUNK)] = row;
+            if (slotCount == 0) {
+                room.words[slots + (int) (row >>> 6)] |= 1L << row;
+            } else {
+                slot = slotOf(row);
+                room.words[slots + (slot >> 1)] |= (long) (place + 1) << ((slot & 1) << 5);
+                taken++;
             }
-            keys[count] = key;
-            count++;
-            taken++;
-            slots[slot] = count;
             return true;
         }
 
-        /** Puts a row in the place of one of the last ones that it outdoes, if there is one. */
-        private boolean replacesOne(long key, int slot) {
-            if (more == fewer || taken >= slots.length / 4 * 3) {
-                return false;
+        /** Takes words for the next rows; if there are none, they may take the place of the first ones. */
+        private void hold(int place) {
+            int chunk = count >> CHUNK_BITS;
+            if (chunk >= chunks.length) {
+                chunks = Arrays.copyOf(chunks, GROWTH * chunks.length);
+            }
+            chunks[chunk] = place;
+            if (place < 0 && loses && slotCount == 0 && lost + 2 * Room.CHUNK <= count) {
+                chunks[chunk] = chunks[lost >> CHUNK_BITS];
+                lost += Room.CHUNK;
+            }
+            spilled |= chunks[chunk] < 0;
+        }
+
+        /** One of the last rows that were not joined which a row outdoes, or -1. */
+        private int outdone(long row) {
+            if (more == fewer || (slotCount > 0 && 2 * taken >= slotCount)) {
+                return NONE;
             }
             for (int i = count - 1; i >= opened && i >= count - LOOKS; i--) {
-                if (((keys[i] & ~key & more) | (key & ~keys[i] & fewer)) == 0) {
-                    keys[i] = key;
-                    taken++;
-                    slots[slot] = i + 1;
-                    return true;
+                long other = room.words[chunks[i >> CHUNK_BITS] + (i & IN_CHUNK)];
+                if (((other & ~row & more) | (row & ~other & fewer)) == 0) {
+                    return i;
                 }
             }
-            return false;
+            return NONE;
         }
 
         /** Looks at a few rows only, the first and the last ones: a row that others outdo costs time and nothing else. */
-        private boolean isOutdone(long key) {
+        private boolean isOutdone(long row) {
             if (more == fewer) {
                 return false;
             }
-            int looks = Math.min(count, LOOKS);
-            int newest = Math.max(looks, count - LOOKS);
-            for (int i = 0; i < looks; i++) {
-                if (((key & ~keys[i] & more) | (keys[i] & ~key & fewer)) == 0) {
+            int first = Math.max(lost, label < 0 ? 0 : 1);
+            int looks = Math.min(count, first + LOOKS);
+            for (int i = first; i < looks; i++) {
+                long other = room.words[chunks[i >> CHUNK_BITS] + (i & IN_CHUNK)];
+                if (((row & ~other & more) | (other & ~row & fewer)) == 0) {
                     return true;
                 }
             }
-            for (int i = newest; i < count; i++) {
-                if (((key & ~keys[i] & more) | (keys[i] & ~key & fewer)) == 0) {
+            for (int i = Math.max(looks, count - LOOKS); i < count; i++) {
+                long other = room.words[chunks[i >> CHUNK_BITS] + (i & IN_CHUNK)];
+                if (((row & ~other & more) | (other & ~row & fewer)) == 0) {
                     return true;
                 }
             }
             return false;
         }
 
-        /** The slot that a key has or would get; there are always free ones. */
-        private int slotOf(long key) {
-            int mask = slots.length - 1;
-            int slot = (int) (key * SPREAD >>> 32) & mask;
-            for (int i = 0; i < slots.length && slots[slot] > 0 && keys[slots[slot] - 1] != key; i++) {
+        /** The slot that a row has or would get; there are always free ones. */
+        private int slotOf(long row) {
+            int mask = slotCount - 1;
+            int slot = (int) (row * Room.SPREAD >>> 32) & mask;
+            for (int i = 0; i < slotCount; i++) {
+                int place = (int) (room.words[slots + (slot >> 1)] >>> ((slot & 1) << 5)) - 1;
+                if (place < 0 || room.words[chunks[place >> CHUNK_BITS] + (place & IN_CHUNK)] == row) {
+                    return slot;
+                }
                 slot = (slot + 1) & mask;
             }
             return slot;
         }
 
-        /** Grows by much, for the arrays that are left behind count as well; not at all if too many others did. */
-        private void grow() {
-            int room = keys.length < SURE_ROOM ? Math.min(GROWTH * keys.length, SURE_ROOM) : MOST_ROOM;
-            if (room > SURE_ROOM) {
-                if (keys.length >= MOST_ROOM || spare[0] <= 0) {
-                    return;
-                }
-                spare[0]--;
+        /** Takes other words to tell which rows there are: more slots, or a mark for each row there can be. */
+        private void widen(int place, int size) {
+            spilled |= place < 0;
+            if (spilled) {
+                return;
             }
-            keys = Arrays.copyOf(keys, room);
-            slots = new int[2 * room];
-            int mask = slots.length - 1;
-            for (int i = 0; i < count; i++) {
-                int slot = (int) (keys[i] * SPREAD >>> 32) & mask;
-                for (int k = 0; k < slots.length && slots[slot] > 0; k++) {
-                    slot = (slot + 1) & mask;
-                }
-                slots[slot] = i + 1;
-            }
-            taken = count;
-        }
-
-        /** Puts in what rows of two tables have together whose sizes make this sum; returns how many were tried. */
-        int join(Table one, Table other, int sum, long mask, int most) {
-            int price = 1;
-            int last = Math.min(sum, one.top);
-            for (int size = Math.max(0, sum - other.top); size <= last && !spilled; size++) {
-                int from = other.starts[sum - size];
-                int to = other.starts[sum - size + 1];
-                price++;
-                for (int i = one.starts[size]; i < one.starts[size + 1] && from < to && !spilled; i++) {
-                    price += to - from;
-                    spilled |= price > most;
-                    for (int k = from; k < to; k++) {
-                        insert(one.keys[i] & other.keys[k] & mask);
+            room.give(slots, slotCount / 2);
+            slots = place;
+            slotCount = width <= Room.MOST_MARKED && Room.marksFor(width) <= size ? 0 : 2 * size;
+            Arrays.fill(room.words, slots, slots + size, 0);
+            taken = 0;
+            for (int i = label < 0 ? 0 : 1; i < count; i++) {
+                long row = room.words[chunks[i >> CHUNK_BITS] + (i & IN_CHUNK)];
+                if (slotCount == 0) {
+                    room.words[slots + (int) (row >>> 6)] |= 1L << row;
+                } else {
+                    int slot = (int) (row * Room.SPREAD >>> 32) & slotCount - 1;
+                    for (int k = 0; k < slotCount && (int) (room.words[slots + (slot >> 1)] >>> ((slot & 1) << 5)) > 0; k++) {
+                        slot = (slot + 1) & slotCount - 1;
                     }
+                    room.words[slots + (slot >> 1)] |= (long) (i + 1) << ((slot & 1) << 5);
+                    taken++;
                 }
             }
-            close(sum);
-            return price;
         }
 
-        /** Puts in what rows of two tables have together that were not joined so; returns how many were tried. */
-        int joinRest(Table one, Table other, long mask, int most) {
-            int price = 1;
-            for (int i = other.count > otherDone ? 0 : oneDone; i < one.count && !spilled; i++) {
-                int from = i < oneDone ? otherDone : 0;
-                price += 1 + other.count - from;
-                spilled |= price > most;
-                for (int k = from; k < other.count; k++) {
-                    insert(one.keys[i] & other.keys[k] & mask);
-                }
-            }
-            oneDone = one.count;
-            otherDone = other.count;
-            opened = count;
-            return price;
-        }
-    }
-
-    /**
-     * The rows of one label, however many: each is told by the schemas of which the value at the label is, and
-     * is marked by one bit. The last ones of them stand in a ring, by rising sizes, until they are joined.
-     */
-    private static final class Line {
-        /** The most schemas of which a value at the label can be or not be. */
-        private static final int MOST_ITEMS = 26;
-        private static final int WORD_BITS = 6;
-        private static final int FEW_WORDS = 1 << 14;
-        private static final int MOST_WORDS = 1 << (MOST_ITEMS - WORD_BITS);
-        private static final int FEW_RING = 1 << 14;
-        private static final int MOST_RING = 1 << 20;
-        private static final int BYTE = 256;
-        private static final int BYTES = 4;
-        /** Tells the row of a record with nothing at the label. */
-        private static final int NOTHING = -1;
-        private static final int RECENT = 1 << 12;
-
-        private final Cone cone;
-        private final int[] items = new int[MOST_ITEMS];
-        private final long[] keys = new long[BYTES * BYTE];
-        private final int[] starts = new int[MOST_SIZE + 2];
-        private long[] seen = new long[1];
-        private long[] ring = new long[1];
-        /** Some of the records that were joined last: to take them in once more would tell nothing. */
-        private final long[] recent = new long[RECENT];
-        private long nothing;
-        private int itemCount;
-        private int words;
-        private int count;
-        /** Where all rows are gone through: the next word, the rows that are left of the one ahead, and then the place in the ring. */
-        private int word;
-        private long left;
-        private int next;
-        /** The label, or -1 if there is no line now. */
-        int label = NONE;
-        /** Whether rows were overwritten ahead of being joined, and with how many rows all others were joined. */
-        boolean isLost;
-        int partners;
-
-        Line(Cone cone) {
-            this.cone = cone;
+        /** How many words of marks there are, from which all rows can be told; 0 if there are none. */
+        int markWords() {
+            return slotCount == 0 ? Room.marksFor(width) : 0;
         }
 
-        /** Starts with nothing at the label; false if there are too many schemas for it. */
-        boolean start() {
-            itemCount = cone.itemsAt(label);
-            if (itemCount > MOST_ITEMS) {
-                return false;
-            }
-            for (int i = 0; i < itemCount; i++) {
-                items[i] = cone.itemOf(label, i);
-            }
-            nothing = cone.withoutLabel(label);
-            for (int i = 0; i < BYTES; i++) {
-                keys[i * BYTE] = cone.atLabel(0, label);
-                for (int k = 1; k < BYTE; k++) {
-                    int item = i * 8 + Integer.numberOfTrailingZeros(k);
-                    keys[i * BYTE + k] = keys[i * BYTE + (k & (k - 1))]
-                            | (item < itemCount ? cone.atLabel(1L << items[item], label) : 0);
-                }
-            }
-            Arrays.fill(recent, NOTHING);
-            words = 1 << Math.max(0, itemCount - WORD_BITS);
-            if (seen.length < words) {
-                seen = new long[words <= FEW_WORDS ? FEW_WORDS : MOST_WORDS];
-            } else {
-                Arrays.fill(seen, 0, words, 0);
-            }
-            isLost = false;
-            partners = 0;
-            word = words;
-            left = 0;
-            next = 0;
-            count = 0;
-            starts[0] = 0;
-            append(NOTHING);
-            close(0);
-            return true;
+        long marksAt(int word) {
+            return room.words[slots + word];
         }
 
-        /** Puts in the row of a value, told by all schemas of which it is; returns whether it is new. */
-        boolean insert(long bits) {
-            int row = 0;
-            for (int i = 0; i < itemCount; i++) {
-                row |= (int) (bits >> items[i] & 1) << i;
-            }
-            long mark = 1L << (row & 63);
-            if ((seen[row >> WORD_BITS] & mark) != 0) {
-                return false;
-            }
-            seen[row >> WORD_BITS] |= mark;
-            append(row);
-            return true;
-        }
-
-        /** Whether a record, told by its own schemas, was not joined just before. */
-        boolean isFresh(long own) {
-            int spot = (int) (own * Table.SPREAD >>> 32) & (RECENT - 1);
-            boolean isFresh = recent[spot] != own;
-            recent[spot] = own;
-            return isFresh;
-        }
-
-        private void append(int row) {
-            if (count >= 2 * ring.length && ring.length < MOST_RING) {
-                long[] old = ring;
-                ring = new long[old.length < FEW_RING ? FEW_RING : MOST_RING];
-                System.arraycopy(old, 0, ring, 0, old.length);
-            }
-            int place = count & (2 * ring.length - 1);
-            int shift = (place & 1) << 5;
-            ring[place >> 1] = (ring[place >> 1] & ~(0xFFFFFFFFL << shift)) | (row & 0xFFFFFFFFL) << shift;
-            count++;
-        }
-
-        /** All rows from now on are of a greater size. */
-        void close(int size) {
-            starts[size + 1] = count;
-        }
-
-        /** The first row of a size; those of the size above start behind its last one. */
-        int startOf(int size) {
-            return starts[size];
-        }
-
-        /** Whether a row still stands in the ring; else it is lost. */
-        boolean keeps(int place) {
-            boolean keeps = count - place <= 2 * ring.length;
-            isLost |= !keeps;
-            return keeps;
-        }
-
-        /** The record schemas that let be at the label what the row tells. */
-        long keyAt(int place) {
-            int spot = place & (2 * ring.length - 1);
-            return keyOf((int) (ring[spot >> 1] >>> ((spot & 1) << 5)));
-        }
-
-        private long keyOf(int row) {
-            return row == NOTHING ? nothing : keys[row & 255] | keys[BYTE + (row >> 8 & 255)] | keys[2 * BYTE + (row >> 16 & 255)]
-                    | keys[3 * BYTE + (row >>> 24)];
-        }
-
-        /** Begins to go through all rows, those that come meanwhile as well. */
-        void goThrough(int partnerCount) {
-            partners = partnerCount;
-            isLost = false;
-            word = 0;
-            left = 0;
-            next = count;
-            // Nothing at the label has no mark.
-            append(NOTHING);
-        }
-
-        /** The key of the next row, or -1 if there is none for now. */
-        long nextKey() {
-            for (; left == 0 && word < words; word++) {
-                left = seen[word];
-            }
-            if (left != 0) {
-                int row = word - 1 << WORD_BITS | Long.numberOfTrailingZeros(left);
-                left &= left - 1;
-                return keyOf(row);
-            }
-            if (next >= count || !keeps(next)) {
-                next = count;
-                return NONE;
-            }
-            next++;
-            return keyAt(next - 1);
+        /** The first row that is not of a smaller size than this, or is of none that is closed. */
+        int behind(int size) {
+            return starts[Math.max(0, Math.min(size, top + 1))];
         }
     }
 
@@ -2666,38 +2750,51 @@ public final class Formwarden {
      */
     private static final class Climb {
         private static final int MOST_ROUNDS = 1000000;
-        private static final int MOST_PAIRS = 1 << 30;
         private static final int ENDLESS = Needs.ENDLESS;
-        private static final int SPARE = 1;
         private static final int WIDE = 1024;
         private static final int NARROW = 256;
-        private static final int ONES = 0;
-        private static final int TWOS = 1;
-        private static final int THREES = 2;
-        private static final int FOURS = 3;
-        private static final int RECORDS = 4;
+        /** The tables behind those of the labels: what two and three labels have together, parts of lists, and lists of two parts. */
+        private static final int LEFT = LABELS;
+        private static final int RIGHT = LABELS + 1;
+        private static final int ONES = LABELS + 2;
+        private static final int TWOS = LABELS + 3;
+        private static final int TABLES = LABELS + 4;
+        /** What is joined: for two labels, for three, for lists of two, of three and of four parts, and for records. */
+        private static final int PAIRS = 2;
+        private static final int THREES = 3;
+        private static final int FOURS = 4;
+        private static final int RECORDS = 5;
+        private static final int JOINS = 6;
+        /** For which table it is joined; what is for none is taken in at once. */
+        private static final int[] INTO = {LEFT, RIGHT, TWOS};
+        /** What a pair of rows costs that is joined for a table, and what is taken in at once and not known yet. */
+        private static final int PRICE_FOR_TABLE = 8;
+        private static final int PRICE = 24;
+        private static final int RANGE = 4;
 
         private final Cone cone;
         private final Demands demands;
-        private final Table[] fields = new Table[LABELS];
-        /** What two labels have together, and the other two, or with a line the three others. */
-        private final Table left;
-        private final Table right;
-        /** Parts of lists, lists of two, three and four parts, and records. */
-        private final Table[] made = new Table[RECORDS + 1];
-        /** Stands for the rows of a label at which there are very many, while there are few of all else. */
-        private final Line line;
+        private final Room room = new Room();
+        private final Table[] tables = new Table[TABLES];
+        /** The labels, the one with the most rows last; and the one whose rows may be lost, or -1. */
+        private final int[] order = new int[LABELS];
+        private int line;
+        /** Of what is joined: both tables, what may come of it, and how many rows of both were joined, each with each. */
+        private final Table[] ones = new Table[JOINS];
+        private final Table[] others = new Table[JOINS];
+        private final long[] masks = new long[JOINS];
+        private final int[] done = new int[2 * JOINS];
+        /** Which rows of both are to be joined: from and up to, of the one and of the other; behind them their number. */
+        private final int[] ranges = new int[RANGE * (MOST_SIZE + 2) + 1];
         private long must;
         private long mustNot;
         private int least;
         private int best;
         private int largest;
-        private int rows;
-        private int rowsOfSize;
         /** Whether it is only asked whether there is an answer, or no more than that can be told. */
         boolean isAnySize;
-        /** How many pairs of rows may still be tried. */
-        int pairs;
+        /** How much may still be spent on joining rows. */
+        long pairs;
         /** No answer is smaller than this. */
         int floor;
         /** Whether the answer is the smallest size, or that there is none. */
@@ -2706,43 +2803,49 @@ public final class Formwarden {
         Climb(Schemas book, Logic logic) {
             cone = new Cone(book);
             demands = new Demands(book, logic);
-            line = new Line(cone);
-            int[] spare = {SPARE};
-            for (int i = 0; i < fields.length; i++) {
-                fields[i] = new Table(spare);
+            for (int i = 0; i < TABLES; i++) {
+                tables[i] = new Table(room, cone, i < LABELS ? i : NONE);
             }
-            for (int i = 0; i < made.length; i++) {
-                made[i] = new Table(spare);
-            }
-            left = new Table(spare);
-            right = new Table(spare);
+            forget();
         }
 
-        /** Tells how many rows a table may have, and how many pairs of rows may be tried. */
-        void allow(int mostRows, int mostPairs) {
-            rows = mostRows;
+        /** Forgets what was seen of how many rows the labels have. */
+        void forget() {
+            for (int i = 0; i < LABELS; i++) {
+                order[i] = LABELS - 1 - i;
+            }
+            line = NONE;
+        }
+
+        /** Tells how many rows a table may have, and how much may be spent on joining rows. */
+        void allow(int mostRows, long mostPairs) {
+            room.rows = mostRows;
+            room.quota = mostRows;
             pairs = mostPairs;
-            rowsOfSize = mostRows;
             isAnySize = false;
-            line.label = NONE;
         }
 
-        /** Tells that a label has a line for its rows; false if there is no label that had far more rows than the others. */
-        boolean drawLine() {
-            int all = 0;
-            int widest = 0;
-            for (int label = 0; label < LABELS; label++) {
-                all += fields[label].count;
-                widest = fields[label].count > fields[widest].count ? label : widest;
+        /**
+         * Has the labels joined from now on by how many rows they had. If one had far more than all others, its
+         * first rows may be lost where there is no room.
+         */
+        void arrange() {
+            int all = tables[ONES].count;
+            for (int i = 0; i < LABELS; i++) {
+                all += tables[i].count;
+                for (int k = i; k > 0 && tables[order[k]].count < tables[order[k - 1]].count; k--) {
+                    int label = order[k];
+                    order[k] = order[k - 1];
+                    order[k - 1] = label;
+                }
             }
-            int most = fields[widest].count;
-            line.label = most >= WIDE && all - most + made[ONES].count <= NARROW ? widest : NONE;
-            return line.label >= 0;
+            int most = tables[order[LABELS - 1]].count;
+            line = most >= WIDE && all - most <= NARROW ? order[LABELS - 1] : NONE;
         }
 
         /** Tells how many rows of one size a table may have; what is more is left out. */
         void thinOut(int mostOfSize) {
-            rowsOfSize = mostOfSize;
+            room.quota = mostOfSize;
         }
 
         /** Tells that it is only asked whether there is an answer: then a greater value can make smaller ones superfluous. */
@@ -2752,6 +2855,52 @@ public final class Formwarden {
 
         /** The smallest size from the least one on, and below another one, of a value of all these and of none of those. */
         int find(long ofAll, long ofNone, int leastSize, int below) {
+            begin(ofAll, ofNone, leastSize);
+            addLeaves();
+            boolean goesOn = closeAll(1);
+            int size = 2;
+            for (; size < MOST_SIZE && size < below && size <= MOST_PARTS * largest + 1 && goesOn && !isAnySize; size++) {
+                for (int t = 0; t < INTO.length; t++) {
+                    planSum(t, size - 1);
+                    fill(t);
+                    tables[INTO[t]].close(size - 1);
+                }
+                feed(size);
+                for (int t = INTO.length; t < JOINS; t++) {
+                    planSum(t, size - 1);
+                    takeIn(t, size);
+                }
+                goesOn = closeAll(size);
+                isAnySize |= line >= 0 && tables[line].isLost;
+            }
+            boolean isEnd = goesOn && !isAnySize && size > MOST_PARTS * largest + 1;
+            boolean changed = goesOn && !isEnd && (size < below || isAnySize);
+            for (int round = 0; round < MOST_ROUNDS && changed && goesOn; round++) {
+                for (int t = 0; t < INTO.length; t++) {
+                    planRest(t, size - 1);
+                    fill(t);
+                    tables[INTO[t]].closeRound();
+                }
+                changed = feed(MOST_SIZE);
+                for (int t = INTO.length; t < JOINS; t++) {
+                    if (t == RECORDS && wantsMarks()) {
+                        changed |= takeMarked();
+                    } else {
+                        planRest(t, size - 1);
+                        changed |= takeIn(t, MOST_SIZE);
+                    }
+                }
+                changed |= line >= 0 && tables[line].isLost;
+                goesOn = closeAll(MOST_SIZE);
+                isEnd = goesOn && !changed;
+            }
+            boolean isWhole = !isThin();
+            isSure = isWhole && (isEnd || best < ENDLESS);
+            floor = isWhole && isEnd ? ENDLESS : floor;
+            return best;
+        }
+
+        private void begin(long ofAll, long ofNone, int leastSize) {
             must = ofAll;
             least = leastSize;
             mustNot = least > 1 ? ofNone | Logic.PARTLESS : ofNone;
@@ -2763,52 +2912,49 @@ public final class Formwarden {
                 demands.spread();
             }
             demands.end();
-            cone.prepare(demands.helpful, demands.harmful);
-            boolean goesOn = start();
-            joinRecords(0);
-            addLeaves();
-            goesOn &= closeAll(1);
-            int size = 2;
-            for (; size < MOST_SIZE && size < below && size <= MOST_PARTS * largest + 1 && goesOn && !isAnySize; size++) {
-                joinLists(size - 1);
-                joinRecords(size - 1);
-                feed(size);
-                joinLine(size);
-                goesOn = closeAll(size);
-                isAnySize |= line.label >= 0 && line.isLost;
-            }
-            boolean isEnd = goesOn && !isAnySize && size > MOST_PARTS * largest + 1;
-            boolean changed = goesOn && !isEnd && (size < below || isAnySize);
-            for (int round = 0; round < MOST_ROUNDS && changed && goesOn; round++) {
-                joinRest();
-                changed = feed(MOST_SIZE);
-                changed |= line.label >= 0 && joinRestOfLine();
-                goesOn = closeAll(MOST_SIZE);
-                isEnd = goesOn && !changed;
-            }
-            boolean isWhole = !isThin();
-            isSure = isWhole && (isEnd || best < ENDLESS);
-            floor = isWhole && isEnd ? ENDLESS : floor;
-            return best;
+            cone.prepare(demands.helpful, demands.harmful, least > 1);
+            startTables();
         }
 
-        /** Empties all; false if there is no room for a line. */
-        private boolean start() {
-            // Where a part must be somewhere, having none at a label serves less than having one.
-            long partless = least > 1 ? Logic.PARTLESS : 0;
-            long falling = cone.falling | partless;
-            for (int label = 0; label < LABELS; label++) {
-                fields[label].start(cone.rising, falling, rows, rowsOfSize, isAnySize);
-                fields[label].insert(cone.withoutLabel(label) | partless);
-                fields[label].close(0);
-            }
-            left.start(cone.rising, falling, rows, rowsOfSize, isAnySize);
-            right.start(cone.rising, falling, rows, rowsOfSize, isAnySize);
-            for (Table table : made) {
-                table.start(cone.rising, falling, rows, rowsOfSize, isAnySize);
+        private void startTables() {
+            room.replaces = isAnySize;
+            room.clear(cone.listWidth(), cone.recordWidth());
+            long rising = cone.recordsAmong(cone.rising);
+            long falling = cone.recordsAmong(cone.falling);
+            for (int i = 0; i < TABLES; i++) {
+                Table table = tables[i];
+                if (i < LABELS) {
+                    table.start(cone.itemsAt(i), cone.itemsOf(rising, i), cone.itemsOf(falling, i));
+                    table.addNothing();
+                    table.loses = i == line;
+                } else if (i < ONES) {
+                    table.start(cone.recordWidth(), rising, falling);
+                } else {
+                    table.start(cone.listWidth(), cone.listsAmong(cone.rising), cone.listsAmong(cone.falling));
+                }
                 table.close(0);
             }
-            return line.label < 0 || (least == 1 && line.start());
+            Arrays.fill(done, NONE);
+            Arrays.fill(masks, -1L);
+            masks[PAIRS] = cone.reaching(2);
+            masks[THREES] = cone.taking(3);
+            masks[FOURS] = cone.taking(4);
+            for (int i = 0; i < 3; i++) {
+                int t = i < PAIRS ? i : RECORDS;
+                ones[t] = tables[order[i + 1]];
+                others[t] = tables[i == 0 ? order[0] : LEFT + i - 1];
+            }
+            ones[PAIRS] = tables[ONES];
+            others[PAIRS] = tables[ONES];
+            ones[THREES] = tables[ONES];
+            others[THREES] = tables[TWOS];
+            ones[FOURS] = tables[TWOS];
+            others[FOURS] = tables[TWOS];
+            for (int t = 0; t < PAIRS; t++) {
+                planSum(t, 0);
+                fill(t);
+                tables[INTO[t]].close(0);
+            }
         }
 
         private void addLeaves() {
@@ -2820,8 +2966,9 @@ public final class Formwarden {
             for (int i = 0; i < cone.breaks(); i++) {
                 add(cone.ofLeaf('n', cone.breakAt(i)), 1, 0);
             }
-            add(cone.taking(0), 1, Logic.LIST);
-            add(cone.withoutLabel(0) & cone.withoutLabel(1) & cone.withoutLabel(2) & cone.withoutLabel(3), 1, Logic.RECORD);
+            add(cone.ofLists(cone.taking(0)), 1, Logic.LIST);
+            long empty = cone.withoutLabel(0) & cone.withoutLabel(1) & cone.withoutLabel(2) & cone.withoutLabel(3);
+            add(cone.ofRecords(empty), 1, Logic.RECORD);
         }
 
         /** Takes in a value by the schemas of its own kind; returns whether it is a new part for others. */
@@ -2832,110 +2979,152 @@ public final class Formwarden {
                 return false;
             }
             int places = size < least ? -1 : size == 1 ? demands.singles : 0;
-            boolean isNew = ((places >> IN_LIST & 1) == 1 || demands.serves(IN_LIST, bits)) && made[ONES].insert(cone.asPart(bits));
+            boolean isNew = ((places >> IN_LIST & 1) == 1 || demands.serves(IN_LIST, bits)) && tables[ONES].insert(cone.asPart(bits));
             for (int label = 0; label < LABELS; label++) {
                 if ((places >> label & 1) == 1 || demands.serves(label, bits)) {
-                    isNew |= label == line.label ? line.insert(bits) : fields[label].insert(cone.atLabel(bits, label));
+                    long row = cone.atLabel(bits, label);
+                    isNew |= !cone.isNothingAsGood(row, label) && tables[label].insert(row);
                 }
             }
             largest = isNew ? size : largest;
             return isNew;
         }
 
-        /** Joins parts of lists whose sizes make this sum. */
-        private void joinLists(int sum) {
-            Table parts = made[ONES];
-            Table twos = made[TWOS];
-            pairs -= twos.join(parts, parts, sum, cone.reaching(2), pairs);
-            // Lists of a length that no schema takes are all alike, and the first one is the smallest one.
-            if (cone.taking(3) != 0 || made[THREES].count == 0) {
-                pairs -= made[THREES].join(twos, parts, sum, cone.taking(3), pairs);
-            }
-            if (cone.taking(4) != 0 || made[FOURS].count == 0) {
-                pairs -= made[FOURS].join(twos, twos, sum, cone.taking(4), pairs);
+        private void addRange(int from, int to, int otherFrom, int otherTo) {
+            int at = ranges[ranges.length - 1];
+            if (from < to && otherFrom < otherTo && at + RANGE < ranges.length) {
+                ranges[at] = from;
+                ranges[at + 1] = to;
+                ranges[at + 2] = otherFrom;
+                ranges[at + 3] = otherTo;
+                ranges[ranges.length - 1] = at + RANGE;
             }
         }
 
-        /** Joins what is at labels, with sizes that make this sum. */
-        private void joinRecords(int sum) {
-            if (line.label < 0) {
-                pairs -= left.join(fields[0], fields[1], sum, -1L, pairs);
-                pairs -= right.join(fields[2], fields[3], sum, -1L, pairs);
-                pairs -= sum > 0 ? made[RECORDS].join(left, right, sum, -1L, pairs) : 0;
-            } else {
-                pairs -= left.join(fields[line.label + 1 & 3], fields[line.label + 2 & 3], sum, -1L, pairs);
-                pairs -= right.join(left, fields[line.label + 3 & 3], sum, -1L, pairs);
+        /** Finds the rows that are to be joined whose sizes make this sum. */
+        private void planSum(int t, int sum) {
+            Table one = ones[t];
+            Table other = others[t];
+            ranges[ranges.length - 1] = 0;
+            // What is joined with itself needs no pair twice.
+            int last = Math.min(one == other ? sum / 2 : sum, one.top());
+            for (int size = Math.max(0, sum - other.top()); size <= last && !isIdle(t); size++) {
+                addRange(one.startOf(size), one.startOf(size + 1), other.startOf(sum - size), other.startOf(sum - size + 1));
             }
         }
 
-        /** Joins the rows of the line, if there is one, with what the other labels have; the records of this size are taken in at once. */
-        private void joinLine(int size) {
-            for (int other = 0; other < size && line.label >= 0; other++) {
-                int from = right.startOf(other);
-                int to = right.startOf(other + 1);
-                int end = line.startOf(size - other);
-                for (int i = line.startOf(size - 1 - other); i < end && from < to && pairs > 0 && line.keeps(i); i++) {
-                    long key = line.keyAt(i);
-                    pairs -= to - from;
-                    for (int k = from; k < to && best == ENDLESS; k++) {
-                        if (line.isFresh(key & right.keys[k])) {
-                            add(key & right.keys[k], size, Logic.RECORD);
+        /** Finds the rows that were not joined; at first those of sizes with a smaller sum than this were. */
+        private void planRest(int t, int sum) {
+            Table one = ones[t];
+            Table other = others[t];
+            int before = done[2 * t];
+            ranges[ranges.length - 1] = 0;
+            for (int size = 0; size <= one.top() && before < 0; size++) {
+                addRange(one.startOf(size), one.startOf(size + 1), other.behind(sum - size), other.count);
+            }
+            addRange(before < 0 ? one.behind(MOST_SIZE) : before, one.count, 0, other.count);
+            addRange(0, before, done[2 * t + 1], other.count);
+            done[2 * t] = one.count;
+            done[2 * t + 1] = other.count;
+        }
+
+        /** Lists of a length that no schema takes are all alike, and the first one is the smallest one. */
+        private boolean isIdle(int t) {
+            return (t == THREES || t == FOURS) && masks[t] == 0 && room.hasSifted(0, Logic.LISTS);
+        }
+
+        /** Puts in a table what it has of the rows that are to be joined. */
+        private void fill(int t) {
+            Table into = tables[INTO[t]];
+            for (int r = 0; r < ranges[ranges.length - 1]; r += RANGE) {
+                for (int at = ranges[r + 2]; at < ranges[r + 3] && !into.spilled; at += Room.LANE) {
+                    int loaded = others[t].load(at, ranges[r + 3], masks[t]);
+                    for (int i = ranges[r]; i < ranges[r + 1] && !into.spilled; i++) {
+                        long key = ones[t].keyAt(i);
+                        pairs -= 1 + PRICE_FOR_TABLE * loaded;
+                        into.spilled |= pairs <= 0;
+                        for (int k = 0; k < loaded; k++) {
+                            into.insert(key & room.lane[k]);
                         }
                     }
                 }
             }
         }
 
-        /** Joins all rows of the line that were not joined; returns whether there are new parts. */
-        private boolean joinRestOfLine() {
+        /** Takes in, as values of a size, what comes of the rows that are to be joined; returns whether there are new parts. */
+        private boolean takeIn(int t, int size) {
+            Table one = ones[t];
             boolean changed = false;
-            if (line.isLost || line.partners < right.count) {
-                line.goThrough(right.count);
-            }
-            long key = line.nextKey();
-            for (int row = 0; row < MOST_PAIRS && key >= 0 && pairs > 0 && best == ENDLESS; row++) {
-                pairs -= line.partners;
-                for (int i = 0; i < line.partners; i++) {
-                    if (line.isFresh(key & right.keys[i])) {
-                        changed |= add(key & right.keys[i], MOST_SIZE, Logic.RECORD);
+            boolean isRecord = t == RECORDS;
+            int kind = isRecord ? Logic.RECORDS : Logic.LISTS;
+            room.refine(kind);
+            for (int r = 0; r < ranges[ranges.length - 1]; r += RANGE) {
+                for (int at = ranges[r + 2]; at < ranges[r + 3] && pairs > 0 && best == ENDLESS; at += Room.LANE) {
+                    int loaded = others[t].load(at, ranges[r + 3], masks[t]);
+                    for (int i = ranges[r]; i < ranges[r + 1] && pairs > 0 && best == ENDLESS; i++) {
+                        // The last rows may take the place of those that are to be joined.
+                        one.isLost |= i < one.lost;
+                        int found = i < one.lost ? 0 : room.sift(one.keyAt(i), loaded, kind);
+                        pairs -= loaded + PRICE * found;
+                        for (int k = 0; k < found && best == ENDLESS; k++) {
+                            long own = isRecord ? cone.ofRecords(room.fresh[k]) : cone.ofLists(room.fresh[k]);
+                            changed |= add(own, size, isRecord ? Logic.RECORD : Logic.LIST);
+                        }
                     }
                 }
-                key = line.nextKey();
             }
-            return changed || line.isLost;
+            return changed;
         }
 
-        /** Joins all parts that were not joined, whose sizes all count the same. */
-        private void joinRest() {
-            Table parts = made[ONES];
-            Table twos = made[TWOS];
-            pairs -= twos.joinRest(parts, parts, cone.reaching(2), pairs);
-            if (cone.taking(3) != 0 || made[THREES].count == 0) {
-                pairs -= made[THREES].joinRest(twos, parts, cone.taking(3), pairs);
+        /** Whether records are to be joined of which rows were lost. */
+        private boolean wantsMarks() {
+            if (line < 0 || tables[line].lost == 0) {
+                return false;
             }
-            if (cone.taking(4) != 0 || made[FOURS].count == 0) {
-                pairs -= made[FOURS].joinRest(twos, twos, cone.taking(4), pairs);
-            }
-            if (line.label < 0) {
-                pairs -= left.joinRest(fields[0], fields[1], -1L, pairs);
-                pairs -= right.joinRest(fields[2], fields[3], -1L, pairs);
-                pairs -= made[RECORDS].joinRest(left, right, -1L, pairs);
-            } else {
-                pairs -= left.joinRest(fields[line.label + 1 & 3], fields[line.label + 2 & 3], -1L, pairs);
-                pairs -= right.joinRest(left, fields[line.label + 3 & 3], -1L, pairs);
-            }
+            Table one = tables[line];
+            return one.isLost || done[2 * RECORDS] < one.lost || done[2 * RECORDS + 1] < others[RECORDS].count;
         }
 
-        /** Takes in the lists and records that were joined, as values of this size; returns whether there are new parts. */
+        /** Takes in all records again, by the marks of the rows that they are joined of; returns whether there are new parts. */
+        private boolean takeMarked() {
+            Table one = ones[RECORDS];
+            Table other = others[RECORDS];
+            boolean changed = false;
+            int words = one.markWords();
+            one.isLost = false;
+            done[2 * RECORDS] = one.count;
+            done[2 * RECORDS + 1] = other.count;
+            for (int at = 0; at < other.count && pairs > 0; at += Room.LANE) {
+                int loaded = other.load(at, other.count, -1L);
+                // That nothing is at the label has no mark.
+                for (int word = NONE; word < words && pairs > 0 && best == ENDLESS; word++) {
+                    long rest = word < 0 ? 1 : one.marksAt(word);
+                    for (int n = 0; n < Long.SIZE && rest != 0; n++) {
+                        long row = (long) word << 6 | Long.numberOfTrailingZeros(rest);
+                        rest &= rest - 1;
+                        long key = word < 0 ? cone.withoutLabel(line) : cone.keyOf(row, line);
+                        int found = room.sift(key, loaded, Logic.RECORDS);
+                        pairs -= loaded + PRICE * found;
+                        for (int k = 0; k < found && best == ENDLESS; k++) {
+                            changed |= add(cone.ofRecords(room.fresh[k]), MOST_SIZE, Logic.RECORD);
+                        }
+                    }
+                }
+            }
+            return changed;
+        }
+
+        /** Takes in the lists of one part and of two parts that were joined; returns whether there are new parts. */
         private boolean feed(int size) {
             boolean changed = false;
-            for (int t = 0; t < made.length; t++) {
-                Table table = made[t];
-                long mask = t == ONES ? cone.taking(1) : t == TWOS ? cone.taking(2) : -1L;
-                long kind = t == RECORDS ? Logic.RECORD : Logic.LIST;
+            for (int length = 1; length <= 2; length++) {
+                Table table = tables[ONES - 1 + length];
                 int end = table.count;
                 for (int i = table.fed; i < end && best == ENDLESS; i++) {
-                    changed |= add(table.keys[i] & mask, size, kind);
+                    room.lane[0] = table.keyAt(i) & cone.taking(length);
+                    if (room.sift(-1L, 1, Logic.LISTS) == 1) {
+                        changed |= add(cone.ofLists(room.fresh[0]), size, Logic.LIST);
+                    }
                 }
                 table.fed = end;
             }
@@ -2944,30 +3133,22 @@ public final class Formwarden {
 
         /** Ends a size; returns whether there is still something to look for, and room and time for it. */
         private boolean closeAll(int size) {
-            boolean goesOn = best == ENDLESS && pairs > 0 && !left.spilled && !right.spilled;
-            for (Table table : fields) {
-                table.close(size);
-                goesOn &= !table.spilled;
+            boolean goesOn = best == ENDLESS && pairs > 0;
+            for (int i = 0; i < TABLES; i++) {
+                goesOn &= !tables[i].spilled;
+                if (i < LABELS || i == ONES) {
+                    tables[i].close(size);
+                }
             }
-            for (Table table : made) {
-                goesOn &= !table.spilled;
-            }
-            made[ONES].close(size);
-            if (line.label >= 0) {
-                line.close(size);
-            }
-            boolean isWhole = goesOn && !isThin() && !isAnySize && (line.label < 0 || !line.isLost);
+            boolean isWhole = goesOn && !isThin() && !isAnySize && (line < 0 || !tables[line].isLost);
             floor = isWhole ? Math.min(size + 1, MOST_SIZE) : floor;
             return goesOn;
         }
 
         /** Whether something was left out. */
         private boolean isThin() {
-            boolean isThin = left.isThin || right.isThin;
-            for (Table table : fields) {
-                isThin |= table.isThin;
-            }
-            for (Table table : made) {
+            boolean isThin = false;
+            for (Table table : tables) {
                 isThin |= table.isThin;
             }
             return isThin;
@@ -3275,19 +3456,19 @@ public final class Formwarden {
         private static final int TURNS = 3;
         private static final int[] STEPS = {0, 3, 1, 2, 4, 5};
         private static final int SHORT_STEPS = 3;
-        private static final int[] ROWS = {512, 8192, 1 << 18};
-        private static final int[] PAIRS = {200000, 5000000, 150000000};
+        private static final int[] ROWS = {512, 8192, 1 << 26};
+        private static final long[] PAIRS = {3200000, 80000000, 6000000000L};
         private static final int[] ASKED = {50000, 700000, 3000000};
-        private static final int ROWS_BY_LINE = 4096;
-        private static final int PAIRS_BY_LINE = 250000000;
-        private static final int PRICE_BY_LINE = 4;
-        private static final int[] PART_PAIRS = {200000, 5000000, 60000000};
+        /** The same where some rows are left out, or sizes are. */
+        private static final int MOST_ROWS_LEFT = 1 << 18;
+        private static final long MOST_PAIRS_LEFT = 2400000000L;
+        private static final long[] PART_PAIRS = {3200000, 80000000, 960000000};
         /** How much of the time for all parts one of them may take. */
         private static final int SHARE = 64;
         private static final int ROWS_OF_SIZE = 200;
         /** How many questions the turns that are not short may ask in all, and what pairs of rows count as one question. */
         private static final int PATIENCE = 100000000;
-        private static final int PAIRS_A_QUESTION = 64;
+        private static final int PAIRS_A_QUESTION = 1024;
         private static final int FRESH = 32;
         private static final int FRESH_PROOF = 8;
         private static final int REACHES = 8;
@@ -3344,6 +3525,7 @@ public final class Formwarden {
                 long must = Cone.bit(first);
                 long mustNot = Cone.bit(second);
                 int found = Needs.ENDLESS;
+                climb.forget();
                 lower = 1;
                 isThere = false;
                 isSure = first == second;
@@ -3386,35 +3568,31 @@ public final class Formwarden {
          * asked whether there is one at all.
          */
         private int up(long must, long mustNot, int known, int turn) {
-            int most = PAIRS[turn];
+            long most = PAIRS[turn];
             climb.allow(ROWS[turn], most);
-            int found = Math.min(known, climb.find(must, mustNot, 1, known));
-            int pairs = most - climb.pairs;
+            int size = climb.find(must, mustNot, 1, known);
+            int found = climb.isAnySize ? known : Math.min(known, size);
+            long pairs = most - climb.pairs;
             lower = Math.max(lower, climb.floor);
-            isSure = climb.isSure || found <= lower;
-            climb.allow(ROWS_BY_LINE, turn == TURNS - 1 && !isSure ? PAIRS_BY_LINE : 0);
-            if (climb.pairs > 0 && climb.drawLine()) {
-                int size = climb.find(must, mustNot, 1, found);
-                pairs += PRICE_BY_LINE * (PAIRS_BY_LINE - climb.pairs);
-                lower = Math.max(lower, climb.floor);
-                isThere |= climb.isAnySize && size < Needs.ENDLESS;
-                found = climb.isAnySize ? found : Math.min(found, size);
-                isSure = found <= lower || (climb.isSure && (!climb.isAnySize || size == Needs.ENDLESS));
-            }
+            isThere |= size < Needs.ENDLESS;
+            isSure = found <= lower || (climb.isSure && (!climb.isAnySize || size == Needs.ENDLESS));
+            climb.arrange();
+            int rows = Math.min(ROWS[turn], MOST_ROWS_LEFT);
+            most = Math.min(most, MOST_PAIRS_LEFT);
             if (!isSure && found == Needs.ENDLESS && turn > 0) {
-                climb.allow(ROWS[turn], most);
+                climb.allow(rows, most);
                 climb.thinOut(ROWS_OF_SIZE);
                 found = climb.find(must, mustNot, 1, found);
                 pairs += most - climb.pairs;
             }
             if (!isSure && found == Needs.ENDLESS && turn > 0) {
-                climb.allow(ROWS[turn], most);
+                climb.allow(rows, most);
                 climb.leaveSizes();
                 isThere |= climb.find(must, mustNot, 1, found) < Needs.ENDLESS;
                 isSure = climb.isSure && !isThere;
                 pairs += most - climb.pairs;
             }
-            patience -= turn == TURNS - 1 ? pairs / PAIRS_A_QUESTION : 0;
+            patience -= turn == TURNS - 1 ? (int) (pairs / PAIRS_A_QUESTION) : 0;
             return found;
         }
 
@@ -3424,7 +3602,7 @@ public final class Formwarden {
          */
         private int down(long must, long mustNot, int known, int turn) {
             int found = known;
-            int pairs = 0;
+            long pairs = 0;
             boolean goesOn = true;
             for (int phase = known < Needs.ENDLESS || isThere ? 1 : 0; phase <= REACHES && goesOn; phase++) {
                 int reach = phase == 0 ? Needs.ENDLESS : Math.min(LEAST_REACH << phase, found);
@@ -3440,7 +3618,7 @@ public final class Formwarden {
                     best = needs.reach();
                     boolean isClimbed = false;
                     if (pairs > 0 && needs.isUntried()) {
-                        int share = Math.min(pairs, PART_PAIRS[turn] / SHARE);
+                        long share = Math.min(pairs, PART_PAIRS[turn] / SHARE);
                         climb.allow(ROWS[turn], share);
                         int size = climb.find(needs.yes[needs.current], needs.no[needs.current], Needs.LEAST_DEEP, best);
                         pairs -= share - climb.pairs;
