@@ -1620,6 +1620,24 @@ public final class Formwarden {
             return bits;
         }
 
+        /** All schemas that a value can be of (or else: must be of) that is perhaps of these of its own kind, and of no others. */
+        long bound(long own, boolean isMost) {
+            long most = own | always;
+            long least = always;
+            for (int i = 0; i < joinCount; i++) {
+                int join = joins[i];
+                boolean isTurned = (join >> SIDES_TURNED & 1) == 1;
+                long upper = isTurned ? ~least : most;
+                long lower = isTurned ? ~most : least;
+                long both = upper >> (join >> FIRST & 63) & upper >> (join >> SECOND & 63) & 1;
+                long each = lower >> (join >> FIRST & 63) & lower >> (join >> SECOND & 63) & 1;
+                isTurned = (join >> TURNED & 1) == 1;
+                most |= (isTurned ? 1 - each : both) << (join & 63);
+                least |= (isTurned ? 1 - both : each) << (join & 63);
+            }
+            return isMost ? most : least;
+        }
+
         /** The list schemas that let a value be a part. */
         long asPart(long bits) {
             long those = 0;
@@ -2362,6 +2380,20 @@ public final class Formwarden {
             return loaded;
         }
 
+        /** Joins what a row tells with those in the lane; returns how many there are of which it is not seen at once that they are known. */
+        int sift(long key, int loaded) {
+            int found = 0;
+            boolean isMarked = slotCount == 0;
+            for (int i = 0; i < loaded; i++) {
+                long row = key & room.lane[i];
+                if (!isMarked || (room.words[slots + (int) (row >>> 6)] >>> row & 1) == 0) {
+                    room.fresh[found] = row;
+                    found++;
+                }
+            }
+            return found;
+        }
+
         /** Puts a row in, if no other one serves as well; returns whether it did. */
         boolean insert(long row) {
             if (spilled) {
@@ -2623,6 +2655,18 @@ public final class Formwarden {
             return false;
         }
 
+        /** Whether a value that can be of some schemas, and must be of others, can stand somewhere in an answer. */
+        boolean canServe(long most, long least) {
+            for (int place = 0; place < PLACES; place++) {
+                for (int i = place * MOST; i < place * MOST + counts[place]; i++) {
+                    if (((wants[i] & ~most) | (misses[i] & least)) == 0) {
+                        return true;
+                    }
+                }
+            }
+            return ((wants[ROOT] & ~most) | (misses[ROOT] & least)) == 0;
+        }
+
         private boolean canBe(long wanted, long missed) {
             return ((wanted & (missed | book.never)) | (missed & book.always)) == 0;
         }
@@ -2776,13 +2820,14 @@ public final class Formwarden {
         private final Demands demands;
         private final Room room = new Room();
         private final Table[] tables = new Table[TABLES];
-        /** The labels, the one with the most rows last; and the one whose rows may be lost, or -1. */
-        private final int[] order = new int[LABELS];
-        private int line;
+        /** The labels, the one with the most rows last; behind them the one whose rows may be lost, or -1. */
+        private final int[] order = new int[LABELS + 1];
         /** Of what is joined: both tables, what may come of it, and how many rows of both were joined, each with each. */
         private final Table[] ones = new Table[JOINS];
         private final Table[] others = new Table[JOINS];
         private final long[] masks = new long[JOINS];
+        /** Whether nothing that matters can come of it; behind them the same of lists of one part and of two parts. */
+        private final boolean[] idle = new boolean[JOINS + 3];
         private final int[] done = new int[2 * JOINS];
         /** Which rows of both are to be joined: from and up to, of the one and of the other; behind them their number. */
         private final int[] ranges = new int[RANGE * (MOST_SIZE + 2) + 1];
@@ -2814,7 +2859,7 @@ public final class Formwarden {
             for (int i = 0; i < LABELS; i++) {
                 order[i] = LABELS - 1 - i;
             }
-            line = NONE;
+            order[LABELS] = NONE;
         }
 
         /** Tells how many rows a table may have, and how much may be spent on joining rows. */
@@ -2840,7 +2885,7 @@ public final class Formwarden {
                 }
             }
             int most = tables[order[LABELS - 1]].count;
-            line = most >= WIDE && all - most <= NARROW ? order[LABELS - 1] : NONE;
+            order[LABELS] = most >= WIDE && all - most <= NARROW ? order[LABELS - 1] : NONE;
         }
 
         /** Tells how many rows of one size a table may have; what is more is left out. */
@@ -2859,6 +2904,7 @@ public final class Formwarden {
             addLeaves();
             boolean goesOn = closeAll(1);
             int size = 2;
+            int line = order[LABELS];
             for (; size < MOST_SIZE && size < below && size <= MOST_PARTS * largest + 1 && goesOn && !isAnySize; size++) {
                 for (int t = 0; t < INTO.length; t++) {
                     planSum(t, size - 1);
@@ -2914,6 +2960,7 @@ public final class Formwarden {
             demands.end();
             cone.prepare(demands.helpful, demands.harmful, least > 1);
             startTables();
+            startJoins();
         }
 
         private void startTables() {
@@ -2926,7 +2973,7 @@ public final class Formwarden {
                 if (i < LABELS) {
                     table.start(cone.itemsAt(i), cone.itemsOf(rising, i), cone.itemsOf(falling, i));
                     table.addNothing();
-                    table.loses = i == line;
+                    table.loses = i == order[LABELS];
                 } else if (i < ONES) {
                     table.start(cone.recordWidth(), rising, falling);
                 } else {
@@ -2934,6 +2981,10 @@ public final class Formwarden {
                 }
                 table.close(0);
             }
+        }
+
+        /** Finds what is to be joined, and whether anything that matters can come of it. */
+        private void startJoins() {
             Arrays.fill(done, NONE);
             Arrays.fill(masks, -1L);
             masks[PAIRS] = cone.reaching(2);
@@ -2950,6 +3001,11 @@ public final class Formwarden {
             others[THREES] = tables[TWOS];
             ones[FOURS] = tables[TWOS];
             others[FOURS] = tables[TWOS];
+            Arrays.fill(idle, isUseless(cone.ofRecords((1L << cone.recordWidth()) - 1), Logic.RECORD));
+            for (int length = 1; length <= MOST_PARTS; length++) {
+                idle[length < 3 ? JOINS + length : length] = isUseless(cone.ofLists(cone.taking(length)), Logic.LIST);
+            }
+            idle[PAIRS] = idle[JOINS + 2] && idle[THREES] && idle[FOURS];
             for (int t = 0; t < PAIRS; t++) {
                 planSum(t, 0);
                 fill(t);
@@ -2990,6 +3046,13 @@ public final class Formwarden {
             return isNew;
         }
 
+        /** Whether no value that is of some of these schemas, and no others of its kind, can be an answer or a part of one. */
+        private boolean isUseless(long own, long kind) {
+            long most = cone.bound(own, true);
+            long lowest = cone.bound(own, false);
+            return !demands.canServe(most, lowest | kind);
+        }
+
         private void addRange(int from, int to, int otherFrom, int otherTo) {
             int at = ranges[ranges.length - 1];
             if (from < to && otherFrom < otherTo && at + RANGE < ranges.length) {
@@ -3019,6 +3082,9 @@ public final class Formwarden {
             Table other = others[t];
             int before = done[2 * t];
             ranges[ranges.length - 1] = 0;
+            if (isIdle(t)) {
+                return;
+            }
             for (int size = 0; size <= one.top() && before < 0; size++) {
                 addRange(one.startOf(size), one.startOf(size + 1), other.behind(sum - size), other.count);
             }
@@ -3028,9 +3094,9 @@ public final class Formwarden {
             done[2 * t + 1] = other.count;
         }
 
-        /** Lists of a length that no schema takes are all alike, and the first one is the smallest one. */
+        /** Whether there is nothing to join; lists of a length that no schema takes are all alike, and the first one is the smallest one. */
         private boolean isIdle(int t) {
-            return (t == THREES || t == FOURS) && masks[t] == 0 && room.hasSifted(0, Logic.LISTS);
+            return idle[t] || ((t == THREES || t == FOURS) && masks[t] == 0 && room.hasSifted(0, Logic.LISTS));
         }
 
         /** Puts in a table what it has of the rows that are to be joined. */
@@ -3040,11 +3106,11 @@ public final class Formwarden {
                 for (int at = ranges[r + 2]; at < ranges[r + 3] && !into.spilled; at += Room.LANE) {
                     int loaded = others[t].load(at, ranges[r + 3], masks[t]);
                     for (int i = ranges[r]; i < ranges[r + 1] && !into.spilled; i++) {
-                        long key = ones[t].keyAt(i);
-                        pairs -= 1 + PRICE_FOR_TABLE * loaded;
+                        int found = into.sift(ones[t].keyAt(i), loaded);
+                        pairs -= loaded + PRICE_FOR_TABLE * found;
                         into.spilled |= pairs <= 0;
-                        for (int k = 0; k < loaded; k++) {
-                            into.insert(key & room.lane[k]);
+                        for (int k = 0; k < found; k++) {
+                            into.insert(room.fresh[k]);
                         }
                     }
                 }
@@ -3078,6 +3144,7 @@ public final class Formwarden {
 
         /** Whether records are to be joined of which rows were lost. */
         private boolean wantsMarks() {
+            int line = order[LABELS];
             if (line < 0 || tables[line].lost == 0) {
                 return false;
             }
@@ -3091,6 +3158,7 @@ public final class Formwarden {
             Table other = others[RECORDS];
             boolean changed = false;
             int words = one.markWords();
+            int line = order[LABELS];
             one.isLost = false;
             done[2 * RECORDS] = one.count;
             done[2 * RECORDS + 1] = other.count;
@@ -3120,7 +3188,7 @@ public final class Formwarden {
             for (int length = 1; length <= 2; length++) {
                 Table table = tables[ONES - 1 + length];
                 int end = table.count;
-                for (int i = table.fed; i < end && best == ENDLESS; i++) {
+                for (int i = table.fed; i < end && best == ENDLESS && !idle[JOINS + length]; i++) {
                     room.lane[0] = table.keyAt(i) & cone.taking(length);
                     if (room.sift(-1L, 1, Logic.LISTS) == 1) {
                         changed |= add(cone.ofLists(room.fresh[0]), size, Logic.LIST);
@@ -3140,7 +3208,7 @@ public final class Formwarden {
                     tables[i].close(size);
                 }
             }
-            boolean isWhole = goesOn && !isThin() && !isAnySize && (line < 0 || !tables[line].isLost);
+            boolean isWhole = goesOn && !isThin() && !isAnySize && (order[LABELS] < 0 || !tables[order[LABELS]].isLost);
             floor = isWhole ? Math.min(size + 1, MOST_SIZE) : floor;
             return goesOn;
         }
