@@ -2146,8 +2146,9 @@ public final class Formwarden {
         static final int CHUNK = 512;
         /** How many rows are joined with each other at once. */
         static final int LANE = 1024;
-        /** The most bits for which there can be a mark each. */
+        /** The most bits for which there can be a mark, and a count, for each row. */
         static final int MOST_MARKED = 26;
+        private static final int MOST_COUNTED = 20;
         static final long SPREAD = 0x9E3779B97F4A7C15L;
         private static final int[] SIZES = {1 << 14, 1 << 18, 5 << 20};
         private static final int WORD_BITS = 6;
@@ -2166,6 +2167,13 @@ public final class Formwarden {
         private final int[] meshes = new int[KINDS];
         private final int[] widths = new int[KINDS];
         private final int[] passed = new int[KINDS];
+        /** Where there is a count for all rows of some few bits, for how many bits there is room, and which bits these are. */
+        private int ground;
+        private int groundBits;
+        private long spots;
+        private long fixed;
+        /** Whether what rows of two tables have together is told by these counts. */
+        boolean isCounted;
         /** How many rows a table may have, how many of one size, and whether better ones can take the place of others. */
         int rows;
         int quota;
@@ -2175,6 +2183,8 @@ public final class Formwarden {
         void clear(int listWidth, int recordWidth) {
             used = 0;
             spare = NONE;
+            groundBits = NONE;
+            isCounted = false;
             for (int kind = Logic.LISTS; kind <= Logic.RECORDS; kind++) {
                 widths[kind] = kind == Logic.LISTS ? listWidth : recordWidth;
                 passed[kind] = 0;
@@ -2241,6 +2251,86 @@ public final class Formwarden {
                 words[place + i] = spare;
                 spare = place + i;
             }
+        }
+
+        /** Makes ready for counts of all rows of these bits, which have others all; false if there is no room. */
+        boolean clearGround(long bits, long always) {
+            int width = Long.bitCount(bits);
+            if (width > MOST_COUNTED) {
+                return false;
+            }
+            if (width > groundBits) {
+                int place = take(2 << width);
+                if (place < 0) {
+                    return false;
+                }
+                ground = place;
+                groundBits = width;
+            }
+            spots = bits;
+            fixed = always;
+            Arrays.fill(words, ground, ground + (2 << width), 0);
+            return true;
+        }
+
+        /** Puts a row on the ground: on its first or second half. */
+        void lay(long row, int half) {
+            int place = 0;
+            long rest = spots;
+            for (int i = 0; i < MOST_COUNTED && rest != 0; i++) {
+                place |= (int) (row >> Long.numberOfTrailingZeros(rest) & 1) << i;
+                rest &= rest - 1;
+            }
+            words[ground + (half << Long.bitCount(spots)) + place] = 1;
+        }
+
+        /**
+         * Counts for each row of how many pairs of the first and the second half it is what both have: counts
+         * of those that have all its bits are multiplied, and then those that have more bits are taken away.
+         */
+        void countPairs() {
+            int size = 1 << Long.bitCount(spots);
+            for (int step = 1; step < 2 * size; step *= 2) {
+                for (int from = 0; from < 2 * size && step < size; from += 2 * step) {
+                    for (int i = ground + from; i < ground + from + step; i++) {
+                        words[i] += words[i + step];
+                    }
+                }
+            }
+            for (int i = ground; i < ground + size; i++) {
+                words[i] *= words[i + size];
+            }
+            for (int step = 1; step < size; step *= 2) {
+                for (int from = 0; from < size; from += 2 * step) {
+                    for (int i = ground + from; i < ground + from + step; i++) {
+                        words[i] -= words[i + step];
+                    }
+                }
+            }
+            isCounted = true;
+        }
+
+        /** How many rows there can be on the ground. */
+        int groundSize() {
+            return 1 << Long.bitCount(spots);
+        }
+
+        /** Puts rows that were counted in the lane, those from a place on; returns how many. */
+        int load(int from, int to) {
+            int loaded = 0;
+            for (int i = from; i < to && i < from + LANE; i++) {
+                if (words[ground + i] != 0) {
+                    long row = fixed;
+                    long rest = spots;
+                    for (int bit = 0; bit < MOST_COUNTED && rest != 0; bit++) {
+                        row |= (long) (i >> bit & 1) << Long.numberOfTrailingZeros(rest);
+                        rest &= rest - 1;
+                    }
+                    lane[loaded] = row;
+                    loaded++;
+                }
+            }
+            return loaded;
         }
 
         /** Joins a row with those in the lane; returns how many came through the sieve. */
@@ -2814,6 +2904,10 @@ public final class Formwarden {
         /** What a pair of rows costs that is joined for a table, and what is taken in at once and not known yet. */
         private static final int PRICE_FOR_TABLE = 8;
         private static final int PRICE = 24;
+        private static final int PRICE_FOR_COUNT = 128;
+        /** From how many pairs on it is looked whether to count takes less time than to join them. */
+        private static final int MANY = 1 << 18;
+        private static final int HALF = 32;
         private static final int RANGE = 4;
 
         private final Cone cone;
@@ -3069,6 +3163,7 @@ public final class Formwarden {
             Table one = ones[t];
             Table other = others[t];
             ranges[ranges.length - 1] = 0;
+            room.isCounted = false;
             // What is joined with itself needs no pair twice.
             int last = Math.min(one == other ? sum / 2 : sum, one.top());
             for (int size = Math.max(0, sum - other.top()); size <= last && !isIdle(t); size++) {
@@ -3082,6 +3177,7 @@ public final class Formwarden {
             Table other = others[t];
             int before = done[2 * t];
             ranges[ranges.length - 1] = 0;
+            room.isCounted = false;
             if (isIdle(t)) {
                 return;
             }
@@ -3092,6 +3188,47 @@ public final class Formwarden {
             addRange(0, before, done[2 * t + 1], other.count);
             done[2 * t] = one.count;
             done[2 * t + 1] = other.count;
+            long all = 0;
+            for (int r = 0; r < ranges[ranges.length - 1]; r += RANGE) {
+                all += (long) (ranges[r + 1] - ranges[r]) * (ranges[r + 3] - ranges[r + 2]);
+            }
+            if (all > MANY && one.lost == 0) {
+                countAll(t, all);
+            }
+        }
+
+        /** Counts what all rows have together, if this takes less time than to join so many pairs. */
+        private void countAll(int t, long all) {
+            Table one = ones[t];
+            Table other = others[t];
+            long always = -1L;
+            long some = 0;
+            long otherSome = 0;
+            for (int i = 0; i < one.count; i++) {
+                long key = one.keyAt(i) & masks[t];
+                always &= key;
+                some |= key;
+            }
+            for (int i = 0; i < other.count; i++) {
+                long key = other.keyAt(i) & masks[t];
+                always &= key;
+                otherSome |= key;
+            }
+            long bits = some & otherSome & ~always;
+            long price = (long) PRICE_FOR_COUNT << Math.min(Long.bitCount(bits), HALF);
+            if (price > all || !room.clearGround(bits, always)) {
+                return;
+            }
+            for (int i = 0; i < one.count; i++) {
+                room.lay(one.keyAt(i), 0);
+            }
+            for (int i = 0; i < other.count; i++) {
+                room.lay(other.keyAt(i), 1);
+            }
+            room.countPairs();
+            pairs -= price;
+            ranges[ranges.length - 1] = 0;
+            addRange(0, 1, 0, room.groundSize());
         }
 
         /** Whether there is nothing to join; lists of a length that no schema takes are all alike, and the first one is the smallest one. */
@@ -3104,9 +3241,9 @@ public final class Formwarden {
             Table into = tables[INTO[t]];
             for (int r = 0; r < ranges[ranges.length - 1]; r += RANGE) {
                 for (int at = ranges[r + 2]; at < ranges[r + 3] && !into.spilled; at += Room.LANE) {
-                    int loaded = others[t].load(at, ranges[r + 3], masks[t]);
+                    int loaded = room.isCounted ? room.load(at, ranges[r + 3]) : others[t].load(at, ranges[r + 3], masks[t]);
                     for (int i = ranges[r]; i < ranges[r + 1] && !into.spilled; i++) {
-                        int found = into.sift(ones[t].keyAt(i), loaded);
+                        int found = into.sift(room.isCounted ? -1L : ones[t].keyAt(i), loaded);
                         pairs -= loaded + PRICE_FOR_TABLE * found;
                         into.spilled |= pairs <= 0;
                         for (int k = 0; k < found; k++) {
@@ -3126,11 +3263,12 @@ public final class Formwarden {
             room.refine(kind);
             for (int r = 0; r < ranges[ranges.length - 1]; r += RANGE) {
                 for (int at = ranges[r + 2]; at < ranges[r + 3] && pairs > 0 && best == ENDLESS; at += Room.LANE) {
-                    int loaded = others[t].load(at, ranges[r + 3], masks[t]);
+                    int loaded = room.isCounted ? room.load(at, ranges[r + 3]) : others[t].load(at, ranges[r + 3], masks[t]);
                     for (int i = ranges[r]; i < ranges[r + 1] && pairs > 0 && best == ENDLESS; i++) {
                         // The last rows may take the place of those that are to be joined.
-                        one.isLost |= i < one.lost;
-                        int found = i < one.lost ? 0 : room.sift(one.keyAt(i), loaded, kind);
+                        boolean isLost = i < one.lost && !room.isCounted;
+                        one.isLost |= isLost;
+                        int found = isLost ? 0 : room.sift(room.isCounted ? -1L : one.keyAt(i), loaded, kind);
                         pairs -= loaded + PRICE * found;
                         for (int k = 0; k < found && best == ENDLESS; k++) {
                             long own = isRecord ? cone.ofRecords(room.fresh[k]) : cone.ofLists(room.fresh[k]);
