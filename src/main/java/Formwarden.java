@@ -2160,6 +2160,8 @@ public final class Formwarden {
         private int used;
         private int spare;
         final long[] lane = new long[LANE];
+        /** Up to where rows were put in the lane. */
+        int loadedTo;
         /** What came through the sieve, of what was joined last. */
         final long[] fresh = new long[LANE];
         /** For lists and for records: where the sieve is, how many words it has, of how many bits rows are, and what came through. */
@@ -2167,13 +2169,15 @@ public final class Formwarden {
         private final int[] meshes = new int[KINDS];
         private final int[] widths = new int[KINDS];
         private final int[] passed = new int[KINDS];
-        /** Where there is a count for all rows of some few bits, for how many bits there is room, and which bits these are. */
+        /** Where there is a count for all rows of some few bits, for how many bits there is room, and which bits these are, or -1. */
         private int ground;
         private int groundBits;
         private long spots;
         private long fixed;
-        /** Whether what rows of two tables have together is told by these counts. */
-        boolean isCounted;
+        /** Which rows of two tables are to be joined: from and up to, of the one and of the other; and what they all must have. */
+        final int[] ranges = new int[4 * (MOST_SIZE + 3)];
+        int rangesEnd;
+        long need;
         /** How many rows a table may have, how many of one size, and whether better ones can take the place of others. */
         int rows;
         int quota;
@@ -2184,7 +2188,7 @@ public final class Formwarden {
             used = 0;
             spare = NONE;
             groundBits = NONE;
-            isCounted = false;
+            spots = NONE;
             for (int kind = Logic.LISTS; kind <= Logic.RECORDS; kind++) {
                 widths[kind] = kind == Logic.LISTS ? listWidth : recordWidth;
                 passed[kind] = 0;
@@ -2307,7 +2311,16 @@ public final class Formwarden {
                     }
                 }
             }
-            isCounted = true;
+        }
+
+        /** Whether what rows of two tables have together is told by counts. */
+        boolean isCounted() {
+            return spots != NONE;
+        }
+
+        /** Forgets the counts. */
+        void leaveGround() {
+            spots = NONE;
         }
 
         /** How many rows there can be on the ground. */
@@ -2318,7 +2331,8 @@ public final class Formwarden {
         /** Puts rows that were counted in the lane, those from a place on; returns how many. */
         int load(int from, int to) {
             int loaded = 0;
-            for (int i = from; i < to && i < from + LANE; i++) {
+            loadedTo = Math.min(to, from + LANE);
+            for (int i = from; i < loadedTo; i++) {
                 if (words[ground + i] != 0) {
                     long row = fixed;
                     long rest = spots;
@@ -2375,8 +2389,8 @@ public final class Formwarden {
         /** The bits that it helps to have, and those that it helps not to have. */
         private long more;
         private long fewer;
-        /** Where the rows of the size that is not closed start. */
-        private int opened;
+        /** Where the rows start that came since rows were closed: others may still take their place. */
+        int opened;
         /** How many slots are taken: more than there are rows, if rows took the place of others. */
         private int taken;
         /** Where the slots are that tell the rows, and how many; none if there is a mark for each row there can be. */
@@ -2461,12 +2475,18 @@ public final class Formwarden {
             return label < 0 ? row : cone.keyOf(row, label);
         }
 
-        /** Puts what some rows tell, as far as a mask shows it, in the lane; returns how many. */
+        /** Puts what some rows tell, as far as a mask shows it, and if it is all that is needed, in the lane; returns how many. */
         int load(int from, int to, long mask) {
-            int loaded = Math.min(to - from, Room.LANE);
-            for (int i = 0; i < loaded; i++) {
-                room.lane[i] = keyAt(from + i) & mask;
+            int loaded = 0;
+            int i = from;
+            for (; i < to && loaded < Room.LANE; i++) {
+                long key = keyAt(i) & mask;
+                if ((room.need & ~key) == 0) {
+                    room.lane[loaded] = key;
+                    loaded++;
+                }
             }
+            room.loadedTo = i;
             return loaded;
         }
 
@@ -2636,12 +2656,14 @@ public final class Formwarden {
      * What each part of an answer must be of and must not be of, by the place where it stands: at a label,
      * or in a list. It is spread from the question down. Of what can be asked at a place all is kept, or of
      * too much two things become what both have in common, so that no part of the smallest answer is left out.
-     * Where nothing can be wanted, nothing is: without it the answer would be smaller.
+     * Where nothing can be wanted, nothing is: without it the answer would be smaller. If the answer has to be
+     * small, it counts how far in a thing is asked first, for a value there has so many others round it.
      */
     private static final class Demands {
         static final int MOST_SPREADS = 1000;
-        /** How many things are asked at a place, and where the question itself stands. */
-        private static final int MOST = 8;
+        /** How many things are asked at a place, if it does not or does count how far in, and where the question itself stands. */
+        private static final int FEW = 8;
+        private static final int MOST = 40;
         private static final int ROOT = PLACES * MOST;
         private static final int MOST_SPLITS = 64;
         private static final int MOST_MORE = 4;
@@ -2653,14 +2675,19 @@ public final class Formwarden {
         /** What else such a part may have to be of, and not to be of. */
         private final long[] mays = new long[ROOT + 1];
         private final long[] mayNots = new long[ROOT + 1];
+        private final int[] depths = new int[ROOT + 1];
+        private final boolean[] isFresh = new boolean[ROOT + 1];
         private final int[] counts = new int[PLACES];
         private boolean isPartlessOut;
+        /** Whether it counts how far in things are asked, and how far in the parts are that it asks of now. */
+        private boolean isFine;
+        private int depth;
         private long want;
         private long miss;
         private long may;
         private long mayNot;
-        /** The things asked that were not spread to the parts. */
-        long fresh;
+        /** How many things that are asked were not spread to the parts. */
+        int fresh;
         /** The places, as bits, where each value of size 1 can stand. */
         int singles;
         /** The schemas of which it can help to be, and those of which it can help not to be. */
@@ -2673,24 +2700,51 @@ public final class Formwarden {
         }
 
         /** Starts with a value, which perhaps is not to be of size 1, that must be of all these and of none of those. */
-        void start(long must, long mustNot, boolean noSingle) {
+        void start(long must, long mustNot, boolean noSingle, boolean countsDepth) {
             Arrays.fill(counts, 0);
+            Arrays.fill(isFresh, false);
             isPartlessOut = noSingle;
+            isFine = countsDepth;
+            depths[ROOT] = 0;
             singles = 0;
             wants[ROOT] = must;
             misses[ROOT] = mustNot;
+            for (int s = 0; s < book.count; s++) {
+                int not = Cone.holds(must, s) ? 0 : 2;
+                if (not == 0 || Cone.holds(mustNot, s)) {
+                    wants[ROOT] |= logic.follows[4 * s + not];
+                    misses[ROOT] |= logic.follows[4 * s + not + 1];
+                }
+            }
             mays[ROOT] = logic.sensed(must, mustNot, 0);
             mayNots[ROOT] = logic.sensed(must, mustNot, 1);
             helpful = mays[ROOT];
             harmful = mayNots[ROOT];
-            fresh = 1L << ROOT;
+            isFresh[ROOT] = true;
+            fresh = 1;
+        }
+
+        /** The thing that was not spread and is the least far in. */
+        private int nextFresh() {
+            int next = ROOT;
+            for (int i = 0; i < ROOT; i++) {
+                next = isFresh[i] && (!isFresh[next] || depths[i] < depths[next]) ? i : next;
+            }
+            return next;
+        }
+
+        private void freshen(int at) {
+            fresh += isFresh[at] ? 0 : 1;
+            isFresh[at] = true;
         }
 
         /** Spreads one thing that is asked: what all ways in which it can be met ask of a part is asked of this part. */
         void spread() {
-            int at = Long.numberOfTrailingZeros(fresh);
-            fresh &= fresh - 1;
-            for (int place = 0; place < PLACES && at <= ROOT; place++) {
+            int at = nextFresh();
+            isFresh[at] = false;
+            fresh--;
+            depth = isFine ? depths[at] + 1 : 0;
+            for (int place = 0; place < PLACES; place++) {
                 long told = (mays[at] & logic.needing[place]) | (mayNots[at] & logic.minding[place]);
                 // A value that must not be without a part can need one for which nothing else asks.
                 if (told == 0 && !(at == ROOT && isPartlessOut)) {
@@ -2717,6 +2771,7 @@ public final class Formwarden {
         void end() {
             for (int place = 0; place < PLACES && fresh != 0; place++) {
                 counts[place] = 1;
+                depths[place * MOST] = 0;
                 wants[place * MOST] = 0;
                 misses[place * MOST] = 0;
                 helpful = -1L;
@@ -2735,10 +2790,10 @@ public final class Formwarden {
             }
         }
 
-        /** Whether a value of these schemas can stand at a place in an answer. */
-        boolean serves(int place, long bits) {
+        /** Whether a value of these schemas can stand at a place in an answer, not farther in than this. */
+        boolean serves(int place, long bits, int most) {
             for (int i = place * MOST; i < place * MOST + counts[place]; i++) {
-                if (((wants[i] & ~bits) | (misses[i] & bits)) == 0) {
+                if (((wants[i] & ~bits) | (misses[i] & bits)) == 0 && depths[i] <= most) {
                     return true;
                 }
             }
@@ -2755,6 +2810,17 @@ public final class Formwarden {
                 }
             }
             return ((wants[ROOT] & ~most) | (misses[ROOT] & least)) == 0;
+        }
+
+        /** The schemas of which all values must be that can stand somewhere, not farther in than this, or be the answer. */
+        long needed(int most) {
+            long needed = wants[ROOT];
+            for (int place = 0; place < PLACES; place++) {
+                for (int i = place * MOST; i < place * MOST + counts[place]; i++) {
+                    needed &= depths[i] <= most ? wants[i] : -1L;
+                }
+            }
+            return needed;
         }
 
         private boolean canBe(long wanted, long missed) {
@@ -2830,8 +2896,15 @@ public final class Formwarden {
             int from = place * MOST;
             int into = from + counts[place];
             for (int i = from; i < into; i++) {
-                if (((wants[i] & ~wanted) | (misses[i] & ~missed)) == 0) {
-                    fresh |= ((yes & ~mays[i]) | (no & ~mayNots[i])) != 0 ? 1L << i : 0;
+                boolean isAsked = ((wants[i] & ~wanted) | (misses[i] & ~missed)) == 0 && depths[i] <= depth;
+                boolean asksMore = ((wanted & ~wants[i]) | (missed & ~misses[i])) == 0 && depths[i] >= depth;
+                if (isAsked || asksMore) {
+                    if (!isAsked || ((yes & ~mays[i]) | (no & ~mayNots[i])) != 0) {
+                        freshen(i);
+                    }
+                    wants[i] &= wanted;
+                    misses[i] &= missed;
+                    depths[i] = Math.min(depths[i], depth);
                     mays[i] |= yes;
                     mayNots[i] |= no;
                     return;
@@ -2839,11 +2912,12 @@ public final class Formwarden {
             }
             wants[into] = wanted;
             misses[into] = missed;
+            depths[into] = depth;
             mays[into] = yes;
             mayNots[into] = no;
-            fresh |= 1L << into;
+            freshen(into);
             counts[place]++;
-            if (counts[place] == MOST) {
+            if (counts[place] == (isFine ? MOST : FEW)) {
                 mergeTwo(from, into);
                 counts[place]--;
             }
@@ -2866,14 +2940,20 @@ public final class Formwarden {
             }
             wants[one] &= wants[two];
             misses[one] &= misses[two];
+            depths[one] = Math.min(depths[one], depths[two]);
             mays[one] |= mays[two];
             mayNots[one] |= mayNots[two];
+            freshen(one);
             wants[two] = wants[last];
             misses[two] = misses[last];
+            depths[two] = depths[last];
             mays[two] = mays[last];
             mayNots[two] = mayNots[last];
-            fresh = (fresh & ~(1L << two)) | 1L << one | (fresh >> last & 1) << two;
-            fresh &= ~(1L << last);
+            // The last one is gone, and its place is free.
+            fresh -= isFresh[two] && two != last ? 1 : 0;
+            isFresh[two] = isFresh[last];
+            fresh -= isFresh[last] && two == last ? 1 : 0;
+            isFresh[last] = false;
         }
     }
 
@@ -2923,13 +3003,13 @@ public final class Formwarden {
         /** Whether nothing that matters can come of it; behind them the same of lists of one part and of two parts. */
         private final boolean[] idle = new boolean[JOINS + 3];
         private final int[] done = new int[2 * JOINS];
-        /** Which rows of both are to be joined: from and up to, of the one and of the other; behind them their number. */
-        private final int[] ranges = new int[RANGE * (MOST_SIZE + 2) + 1];
         private long must;
         private long mustNot;
         private int least;
         private int best;
         private int largest;
+        /** No answer greater than this is of interest, if that is told ahead; then parts of greater ones are left out. */
+        private int limit = ENDLESS;
         /** Whether it is only asked whether there is an answer, or no more than that can be told. */
         boolean isAnySize;
         /** How much may still be spent on joining rows. */
@@ -2962,6 +3042,12 @@ public final class Formwarden {
             room.quota = mostRows;
             pairs = mostPairs;
             isAnySize = false;
+            limit = ENDLESS;
+        }
+
+        /** Tells that parts of answers that are not small enough are left out. */
+        void confine() {
+            limit = 0;
         }
 
         /**
@@ -2994,19 +3080,24 @@ public final class Formwarden {
 
         /** The smallest size from the least one on, and below another one, of a value of all these and of none of those. */
         int find(long ofAll, long ofNone, int leastSize, int below) {
+            boolean isConfined = limit < ENDLESS;
+            limit = isConfined ? below - 1 : ENDLESS;
             begin(ofAll, ofNone, leastSize);
             addLeaves();
             boolean goesOn = closeAll(1);
             int size = 2;
             int line = order[LABELS];
             for (; size < MOST_SIZE && size < below && size <= MOST_PARTS * largest + 1 && goesOn && !isAnySize; size++) {
+                long needed = demands.needed(limit - size);
                 for (int t = 0; t < INTO.length; t++) {
+                    room.need = t == PAIRS ? cone.listsAmong(needed) : cone.recordsAmong(needed);
                     planSum(t, size - 1);
                     fill(t);
                     tables[INTO[t]].close(size - 1);
                 }
                 feed(size);
                 for (int t = INTO.length; t < JOINS; t++) {
+                    room.need = t == RECORDS ? cone.recordsAmong(needed) : cone.listsAmong(needed);
                     planSum(t, size - 1);
                     takeIn(t, size);
                 }
@@ -3014,7 +3105,13 @@ public final class Formwarden {
                 isAnySize |= line >= 0 && tables[line].isLost;
             }
             boolean isEnd = goesOn && !isAnySize && size > MOST_PARTS * largest + 1;
+            if (isConfined) {
+                floor = isEnd && !isThin() ? Math.max(floor, Math.min(below, MOST_SIZE)) : floor;
+                isSure = best < ENDLESS && !isAnySize && !isThin();
+                return isAnySize ? ENDLESS : best;
+            }
             boolean changed = goesOn && !isEnd && (size < below || isAnySize);
+            room.need = 0;
             for (int round = 0; round < MOST_ROUNDS && changed && goesOn; round++) {
                 for (int t = 0; t < INTO.length; t++) {
                     planRest(t, size - 1);
@@ -3047,8 +3144,8 @@ public final class Formwarden {
             best = ENDLESS;
             largest = 0;
             floor = 1;
-            demands.start(ofAll, ofNone, least > 1);
-            for (int i = 0; i < Demands.MOST_SPREADS && demands.fresh != 0; i++) {
+            demands.start(ofAll, ofNone, least > 1, limit < ENDLESS);
+            for (int i = 0; i < Demands.MOST_SPREADS && demands.fresh > 0; i++) {
                 demands.spread();
             }
             demands.end();
@@ -3099,6 +3196,7 @@ public final class Formwarden {
             for (int length = 1; length <= MOST_PARTS; length++) {
                 idle[length < 3 ? JOINS + length : length] = isUseless(cone.ofLists(cone.taking(length)), Logic.LIST);
             }
+            room.need = 0;
             idle[PAIRS] = idle[JOINS + 2] && idle[THREES] && idle[FOURS];
             for (int t = 0; t < PAIRS; t++) {
                 planSum(t, 0);
@@ -3129,9 +3227,9 @@ public final class Formwarden {
                 return false;
             }
             int places = size < least ? -1 : size == 1 ? demands.singles : 0;
-            boolean isNew = ((places >> IN_LIST & 1) == 1 || demands.serves(IN_LIST, bits)) && tables[ONES].insert(cone.asPart(bits));
+            boolean isNew = ((places >> IN_LIST & 1) == 1 || demands.serves(IN_LIST, bits, limit - size)) && tables[ONES].insert(cone.asPart(bits));
             for (int label = 0; label < LABELS; label++) {
-                if ((places >> label & 1) == 1 || demands.serves(label, bits)) {
+                if ((places >> label & 1) == 1 || demands.serves(label, bits, limit - size)) {
                     long row = cone.atLabel(bits, label);
                     isNew |= !cone.isNothingAsGood(row, label) && tables[label].insert(row);
                 }
@@ -3148,13 +3246,13 @@ public final class Formwarden {
         }
 
         private void addRange(int from, int to, int otherFrom, int otherTo) {
-            int at = ranges[ranges.length - 1];
-            if (from < to && otherFrom < otherTo && at + RANGE < ranges.length) {
-                ranges[at] = from;
-                ranges[at + 1] = to;
-                ranges[at + 2] = otherFrom;
-                ranges[at + 3] = otherTo;
-                ranges[ranges.length - 1] = at + RANGE;
+            int at = room.rangesEnd;
+            if (from < to && otherFrom < otherTo && at + RANGE <= room.ranges.length) {
+                room.ranges[at] = from;
+                room.ranges[at + 1] = to;
+                room.ranges[at + 2] = otherFrom;
+                room.ranges[at + 3] = otherTo;
+                room.rangesEnd = at + RANGE;
             }
         }
 
@@ -3162,8 +3260,8 @@ public final class Formwarden {
         private void planSum(int t, int sum) {
             Table one = ones[t];
             Table other = others[t];
-            ranges[ranges.length - 1] = 0;
-            room.isCounted = false;
+            room.rangesEnd = 0;
+            room.leaveGround();
             // What is joined with itself needs no pair twice.
             int last = Math.min(one == other ? sum / 2 : sum, one.top());
             for (int size = Math.max(0, sum - other.top()); size <= last && !isIdle(t); size++) {
@@ -3176,21 +3274,22 @@ public final class Formwarden {
             Table one = ones[t];
             Table other = others[t];
             int before = done[2 * t];
-            ranges[ranges.length - 1] = 0;
-            room.isCounted = false;
+            int otherEnd = other.opened;
+            room.rangesEnd = 0;
+            room.leaveGround();
             if (isIdle(t)) {
                 return;
             }
             for (int size = 0; size <= one.top() && before < 0; size++) {
-                addRange(one.startOf(size), one.startOf(size + 1), other.behind(sum - size), other.count);
+                addRange(one.startOf(size), one.startOf(size + 1), other.behind(sum - size), otherEnd);
             }
-            addRange(before < 0 ? one.behind(MOST_SIZE) : before, one.count, 0, other.count);
-            addRange(0, before, done[2 * t + 1], other.count);
-            done[2 * t] = one.count;
-            done[2 * t + 1] = other.count;
+            addRange(before < 0 ? one.behind(MOST_SIZE) : before, one.opened, 0, otherEnd);
+            addRange(0, before, done[2 * t + 1], otherEnd);
+            done[2 * t] = one.opened;
+            done[2 * t + 1] = otherEnd;
             long all = 0;
-            for (int r = 0; r < ranges[ranges.length - 1]; r += RANGE) {
-                all += (long) (ranges[r + 1] - ranges[r]) * (ranges[r + 3] - ranges[r + 2]);
+            for (int r = 0; r < room.rangesEnd; r += RANGE) {
+                all += (long) (room.ranges[r + 1] - room.ranges[r]) * (room.ranges[r + 3] - room.ranges[r + 2]);
             }
             if (all > MANY && one.lost == 0) {
                 countAll(t, all);
@@ -3204,12 +3303,12 @@ public final class Formwarden {
             long always = -1L;
             long some = 0;
             long otherSome = 0;
-            for (int i = 0; i < one.count; i++) {
+            for (int i = 0; i < one.opened; i++) {
                 long key = one.keyAt(i) & masks[t];
                 always &= key;
                 some |= key;
             }
-            for (int i = 0; i < other.count; i++) {
+            for (int i = 0; i < other.opened; i++) {
                 long key = other.keyAt(i) & masks[t];
                 always &= key;
                 otherSome |= key;
@@ -3219,15 +3318,15 @@ public final class Formwarden {
             if (price > all || !room.clearGround(bits, always)) {
                 return;
             }
-            for (int i = 0; i < one.count; i++) {
+            for (int i = 0; i < one.opened; i++) {
                 room.lay(one.keyAt(i), 0);
             }
-            for (int i = 0; i < other.count; i++) {
+            for (int i = 0; i < other.opened; i++) {
                 room.lay(other.keyAt(i), 1);
             }
             room.countPairs();
             pairs -= price;
-            ranges[ranges.length - 1] = 0;
+            room.rangesEnd = 0;
             addRange(0, 1, 0, room.groundSize());
         }
 
@@ -3239,12 +3338,15 @@ public final class Formwarden {
         /** Puts in a table what it has of the rows that are to be joined. */
         private void fill(int t) {
             Table into = tables[INTO[t]];
-            for (int r = 0; r < ranges[ranges.length - 1]; r += RANGE) {
-                for (int at = ranges[r + 2]; at < ranges[r + 3] && !into.spilled; at += Room.LANE) {
-                    int loaded = room.isCounted ? room.load(at, ranges[r + 3]) : others[t].load(at, ranges[r + 3], masks[t]);
-                    for (int i = ranges[r]; i < ranges[r + 1] && !into.spilled; i++) {
-                        int found = into.sift(room.isCounted ? -1L : ones[t].keyAt(i), loaded);
-                        pairs -= loaded + PRICE_FOR_TABLE * found;
+            for (int r = 0; r < room.rangesEnd; r += RANGE) {
+                int at = room.ranges[r + 2];
+                for (int n = at; n < room.ranges[r + 3] && at < room.ranges[r + 3] && !into.spilled; n++) {
+                    int loaded = room.isCounted() ? room.load(at, room.ranges[r + 3]) : others[t].load(at, room.ranges[r + 3], masks[t]);
+                    at = room.loadedTo;
+                    for (int i = room.ranges[r]; i < room.ranges[r + 1] && loaded > 0 && !into.spilled; i++) {
+                        long key = room.isCounted() ? -1L : ones[t].keyAt(i);
+                        int found = (room.need & ~key) == 0 ? into.sift(key, loaded) : 0;
+                        pairs -= 1 + ((room.need & ~key) == 0 ? loaded + PRICE_FOR_TABLE * found : 0);
                         into.spilled |= pairs <= 0;
                         for (int k = 0; k < found; k++) {
                             into.insert(room.fresh[k]);
@@ -3261,14 +3363,21 @@ public final class Formwarden {
             boolean isRecord = t == RECORDS;
             int kind = isRecord ? Logic.RECORDS : Logic.LISTS;
             room.refine(kind);
-            for (int r = 0; r < ranges[ranges.length - 1]; r += RANGE) {
-                for (int at = ranges[r + 2]; at < ranges[r + 3] && pairs > 0 && best == ENDLESS; at += Room.LANE) {
-                    int loaded = room.isCounted ? room.load(at, ranges[r + 3]) : others[t].load(at, ranges[r + 3], masks[t]);
-                    for (int i = ranges[r]; i < ranges[r + 1] && pairs > 0 && best == ENDLESS; i++) {
+            for (int r = 0; r < room.rangesEnd; r += RANGE) {
+                int at = room.ranges[r + 2];
+                for (int n = at; n < room.ranges[r + 3] && at < room.ranges[r + 3] && pairs > 0 && best == ENDLESS; n++) {
+                    int loaded = room.isCounted() ? room.load(at, room.ranges[r + 3]) : others[t].load(at, room.ranges[r + 3], masks[t]);
+                    at = room.loadedTo;
+                    for (int i = room.ranges[r]; i < room.ranges[r + 1] && loaded > 0 && pairs > 0 && best == ENDLESS; i++) {
                         // The last rows may take the place of those that are to be joined.
-                        boolean isLost = i < one.lost && !room.isCounted;
+                        boolean isLost = i < one.lost && !room.isCounted();
                         one.isLost |= isLost;
-                        int found = isLost ? 0 : room.sift(room.isCounted ? -1L : one.keyAt(i), loaded, kind);
+                        long key = room.isCounted() || isLost ? -1L : one.keyAt(i);
+                        pairs--;
+                        if (isLost || (room.need & ~key) != 0) {
+                            continue;
+                        }
+                        int found = room.sift(key, loaded, kind);
                         pairs -= loaded + PRICE * found;
                         for (int k = 0; k < found && best == ENDLESS; k++) {
                             long own = isRecord ? cone.ofRecords(room.fresh[k]) : cone.ofLists(room.fresh[k]);
@@ -3287,7 +3396,7 @@ public final class Formwarden {
                 return false;
             }
             Table one = tables[line];
-            return one.isLost || done[2 * RECORDS] < one.lost || done[2 * RECORDS + 1] < others[RECORDS].count;
+            return one.isLost || done[2 * RECORDS] < one.lost || done[2 * RECORDS + 1] < others[RECORDS].opened;
         }
 
         /** Takes in all records again, by the marks of the rows that they are joined of; returns whether there are new parts. */
@@ -3298,10 +3407,10 @@ public final class Formwarden {
             int words = one.markWords();
             int line = order[LABELS];
             one.isLost = false;
-            done[2 * RECORDS] = one.count;
-            done[2 * RECORDS + 1] = other.count;
-            for (int at = 0; at < other.count && pairs > 0; at += Room.LANE) {
-                int loaded = other.load(at, other.count, -1L);
+            done[2 * RECORDS] = one.opened;
+            done[2 * RECORDS + 1] = other.opened;
+            for (int at = 0; at < other.opened && pairs > 0; at += Room.LANE) {
+                int loaded = other.load(at, other.opened, -1L);
                 // That nothing is at the label has no mark.
                 for (int word = NONE; word < words && pairs > 0 && best == ENDLESS; word++) {
                     long rest = word < 0 ? 1 : one.marksAt(word);
@@ -3325,7 +3434,7 @@ public final class Formwarden {
             boolean changed = false;
             for (int length = 1; length <= 2; length++) {
                 Table table = tables[ONES - 1 + length];
-                int end = table.count;
+                int end = table.opened;
                 for (int i = table.fed; i < end && best == ENDLESS && !idle[JOINS + length]; i++) {
                     room.lane[0] = table.keyAt(i) & cone.taking(length);
                     if (room.sift(-1L, 1, Logic.LISTS) == 1) {
@@ -3658,15 +3767,16 @@ public final class Formwarden {
      * about lists and records that are not empty, and what is asked of a part is tried up from the leaves, too.
      */
     private static final class Search {
-        /** Three turns up, then three turns down, and in which order they are taken: those that take less time first. */
+        /** Three turns up, three turns down and three up to sizes that rise, and in which order they are taken: those that take less time first. */
         private static final int TURNS = 3;
-        private static final int[] STEPS = {0, 3, 1, 2, 4, 5};
+        private static final int[] STEPS = {0, 3, 1, 7, 4, 8, 2, 5};
         private static final int SHORT_STEPS = 3;
         private static final int[] ROWS = {512, 8192, 1 << 26};
         private static final long[] PAIRS = {3200000, 80000000, 6000000000L};
         private static final int[] ASKED = {50000, 700000, 3000000};
         /** The same where some rows are left out, or sizes are. */
         private static final int MOST_ROWS_LEFT = 1 << 18;
+        private static final long[] PAIRS_CONFINED = {0, 80000000, 2400000000L};
         private static final long MOST_PAIRS_LEFT = 2400000000L;
         private static final long[] PART_PAIRS = {3200000, 80000000, 960000000};
         /** How much of the time for all parts one of them may take. */
@@ -3739,7 +3849,9 @@ public final class Formwarden {
                     int turn = STEPS[i] % TURNS;
                     int made = turn == 1 ? verdicts.leastSize(schema, other) : 0;
                     found = made > 0 ? Math.min(found, made) : found;
-                    found = STEPS[i] < TURNS ? up(must, mustNot, found, turn) : down(must, mustNot, found, turn);
+                    int way = STEPS[i] / TURNS;
+                    found = way == 0 ? up(must, mustNot, found, turn) : way == 1 ? down(must, mustNot, found, turn)
+                            : confined(must, mustNot, found, turn);
                 }
                 found = found == Needs.ENDLESS && isThere ? lower : found;
                 answers[place] = (found == Needs.ENDLESS ? 0 : found) | (isSure ? 0 : UNSURE);
@@ -3800,6 +3912,34 @@ public final class Formwarden {
             }
             patience -= turn == TURNS - 1 ? (int) (pairs / PAIRS_A_QUESTION) : 0;
             return found;
+        }
+
+        /**
+         * The smallest size found on the way up to sizes that rise, or the one known, if none is smaller: what
+         * can only be a part of greater answers is left out each time.
+         */
+        private int confined(long must, long mustNot, int known, int turn) {
+            int found = known;
+            long most = PAIRS_CONFINED[turn];
+            long pairs = most;
+            boolean goesOn = true;
+            for (int reach = nextReach(lower); reach <= 2 * MOST_SIZE && goesOn && !isSure; reach = nextReach(reach)) {
+                int below = Math.min(found, Math.min(reach, MOST_SIZE));
+                climb.allow(ROWS[turn], pairs);
+                climb.confine();
+                found = Math.min(found, climb.find(must, mustNot, 1, below));
+                pairs = climb.pairs;
+                lower = Math.max(lower, climb.floor);
+                isSure = climb.isSure || found <= lower;
+                goesOn = climb.floor >= below && below < MOST_SIZE && pairs > 0;
+                climb.arrange();
+            }
+            patience -= turn == TURNS - 1 ? (int) ((most - pairs) / PAIRS_A_QUESTION) : 0;
+            return found;
+        }
+
+        private static int nextReach(int reach) {
+            return reach + reach / 8 + 2;
         }
 
         /**
