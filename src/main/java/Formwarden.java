@@ -2150,7 +2150,7 @@ public final class Formwarden {
         static final int MOST_MARKED = 26;
         private static final int MOST_COUNTED = 20;
         static final long SPREAD = 0x9E3779B97F4A7C15L;
-        private static final int[] SIZES = {1 << 14, 1 << 18, 5 << 20};
+        private static final int[] SIZES = {1 << 14, 1 << 18, 18 << 18};
         private static final int WORD_BITS = 6;
         private static final int FEW = 256;
         private static final int MANY = 1 << 17;
@@ -3068,6 +3068,11 @@ public final class Formwarden {
             order[LABELS] = most >= WIDE && all - most <= NARROW ? order[LABELS - 1] : NONE;
         }
 
+        /** Whether one label had far more rows than all others. */
+        boolean isLine() {
+            return order[LABELS] >= 0;
+        }
+
         /** Tells how many rows of one size a table may have; what is more is left out. */
         void thinOut(int mostOfSize) {
             room.quota = mostOfSize;
@@ -3767,17 +3772,21 @@ public final class Formwarden {
      * about lists and records that are not empty, and what is asked of a part is tried up from the leaves, too.
      */
     private static final class Search {
-        /** Three turns up, three turns down and three up to sizes that rise, and in which order they are taken: those that take less time first. */
+        /**
+         * Three turns each: up, down, up to sizes that rise, and up for any size; and in which order they are
+         * taken: those that take less time first.
+         */
         private static final int TURNS = 3;
-        private static final int[] STEPS = {0, 3, 1, 7, 4, 8, 2, 5};
+        private static final int[] STEPS = {0, 3, 1, 10, 7, 4, 11, 8, 2, 5};
         private static final int SHORT_STEPS = 3;
         private static final int[] ROWS = {512, 8192, 1 << 26};
         private static final long[] PAIRS = {3200000, 80000000, 6000000000L};
-        private static final int[] ASKED = {50000, 700000, 3000000};
-        /** The same where some rows are left out, or sizes are. */
-        private static final int MOST_ROWS_LEFT = 1 << 18;
+        private static final int[] ASKED = {50000, 700000, 1500000};
+        /** The same on the way to sizes that rise, for any size, and where some rows are left out. */
         private static final long[] PAIRS_CONFINED = {0, 80000000, 2400000000L};
-        private static final long MOST_PAIRS_LEFT = 2400000000L;
+        private static final long[] PAIRS_ANY = {0, 80000000, 2400000000L};
+        private static final int MOST_ROWS_THIN = 8192;
+        private static final long PAIRS_THIN = 80000000;
         private static final long[] PART_PAIRS = {3200000, 80000000, 960000000};
         /** How much of the time for all parts one of them may take. */
         private static final int SHARE = 64;
@@ -3851,7 +3860,7 @@ public final class Formwarden {
                     found = made > 0 ? Math.min(found, made) : found;
                     int way = STEPS[i] / TURNS;
                     found = way == 0 ? up(must, mustNot, found, turn) : way == 1 ? down(must, mustNot, found, turn)
-                            : confined(must, mustNot, found, turn);
+                            : way == 2 ? confined(must, mustNot, found, turn) : anySize(must, mustNot, found, turn);
                 }
                 found = found == Needs.ENDLESS && isThere ? lower : found;
                 answers[place] = (found == Needs.ENDLESS ? 0 : found) | (isSure ? 0 : UNSURE);
@@ -3882,8 +3891,7 @@ public final class Formwarden {
 
         /**
          * The smallest size found on the way up, or the one known, if none is smaller. If there are too many
-         * kinds of values, some are left out, which may find an answer, though not the smallest one; and it is
-         * asked whether there is one at all.
+         * kinds of values, some are left out, which may find an answer, though not the smallest one.
          */
         private int up(long must, long mustNot, int known, int turn) {
             long most = PAIRS[turn];
@@ -3895,23 +3903,27 @@ public final class Formwarden {
             isThere |= size < Needs.ENDLESS;
             isSure = found <= lower || (climb.isSure && (!climb.isAnySize || size == Needs.ENDLESS));
             climb.arrange();
-            int rows = Math.min(ROWS[turn], MOST_ROWS_LEFT);
-            most = Math.min(most, MOST_PAIRS_LEFT);
             if (!isSure && found == Needs.ENDLESS && turn > 0) {
-                climb.allow(rows, most);
+                climb.allow(MOST_ROWS_THIN, PAIRS_THIN);
                 climb.thinOut(ROWS_OF_SIZE);
                 found = climb.find(must, mustNot, 1, found);
-                pairs += most - climb.pairs;
-            }
-            if (!isSure && found == Needs.ENDLESS && turn > 0) {
-                climb.allow(rows, most);
-                climb.leaveSizes();
-                isThere |= climb.find(must, mustNot, 1, found) < Needs.ENDLESS;
-                isSure = climb.isSure && !isThere;
-                pairs += most - climb.pairs;
+                pairs += PAIRS_THIN - climb.pairs;
             }
             patience -= turn == TURNS - 1 ? (int) (pairs / PAIRS_A_QUESTION) : 0;
             return found;
+        }
+
+        /** Finds on the way up whether there is an answer of any size at all, unless one is known. */
+        private int anySize(long must, long mustNot, int known, int turn) {
+            if (known < Needs.ENDLESS || isThere || (turn == TURNS - 1 && climb.isLine())) {
+                return known;
+            }
+            climb.allow(ROWS[turn], PAIRS_ANY[turn]);
+            climb.leaveSizes();
+            isThere = climb.find(must, mustNot, 1, known) < Needs.ENDLESS;
+            isSure = climb.isSure && !isThere;
+            patience -= turn == TURNS - 1 ? (int) ((PAIRS_ANY[turn] - climb.pairs) / PAIRS_A_QUESTION) : 0;
+            return known;
         }
 
         /**
@@ -3922,7 +3934,8 @@ public final class Formwarden {
             int found = known;
             long most = PAIRS_CONFINED[turn];
             long pairs = most;
-            boolean goesOn = true;
+            // Along a line there are no more parts of greater values than of small ones.
+            boolean goesOn = !climb.isLine();
             for (int reach = nextReach(lower); reach <= 2 * MOST_SIZE && goesOn && !isSure; reach = nextReach(reach)) {
                 int below = Math.min(found, Math.min(reach, MOST_SIZE));
                 climb.allow(ROWS[turn], pairs);

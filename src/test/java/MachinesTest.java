@@ -181,41 +181,19 @@ public final class MachinesTest {
     /** Chains that some hundred thousand or a million kinds of links have to be told apart for; found by trying many. */
     private static void wide() {
         String later = "z o0,1!0 o0,0!1 o0,0!2 o0,0!3 o0,0!4 o0,0!5 o0,0!6 o0,0!7 o0,0!8 o0,0!9 o0,0!10 o0,0!11 o0,0!12 ";
-        Formwarden f = told(later + "o0,0!13 o0,0!14 o0,0!15 o0,0!16 o0,0!17 o0,0!18 o0,0!19 o0,0!20 r0 r1 o1,1!0"
+        Formwarden f = Told.schemas(later + "o0,0!13 o0,0!14 o0,0!15 o0,0!16 o0,0!17 o0,0!18 o0,0!19 o0,0!20 r0 r1 o1,1!0"
                 + " o1,0!23,1?0 u18,21 &18,21 !27 &26,28 &1,29 u1,29 !31 u30,32 &25,33 u24,34 o1,0!22,1?0,2!2 &36,33"
                 + " u24,37 &22,1 &39,2 &40,3 &41,4 &42,5 &43,6 &44,7 =0,35 =1,38");
         Check.due("wide 1", Check.answer(() -> f.gap(45, 18)), 1000);
-        Formwarden g = told(later + "o0,2!0 o0,0!14 o0,0!15 o0,0!16 o0,0!17 o0,0!18 o0,0!19 o0,0!20 o0,0!21 o0,0!22 o0,0!23 r0"
+        Formwarden g = Told.schemas(later + "o0,2!0 o0,0!14 o0,0!15 o0,0!16 o0,0!17 o0,0!18 o0,0!19 o0,0!20 o0,0!21 o0,0!22 o0,0!23 r0"
                 + " o1,1!0 o1,0!25,1?0,2?0 u3,13 &4,13 !29 &28,30 &1,31 u1,31 !33 u32,34 u13,24 u36,14 &35,37 &27,38"
                 + " u29,39 &25,1 &41,23 &42,3 &43,4 &44,5 n22,32 =0,40 =1,44");
         Check.due("wide 2", Check.answer(() -> g.gap(45, 21)), 19);
-        Formwarden h = told("z o1,0!0 o0,1!1 o0,0!2 o0,0!3 o0,0!4 o0,0!5 o0,0!6 o0,0!7 o0,0!8 o0,0!9 o0,0!10 o0,0!11"
+        Formwarden h = Told.schemas("z o1,0!0 o0,1!1 o0,0!2 o0,0!3 o0,0!4 o0,0!5 o0,0!6 o0,0!7 o0,0!8 o0,0!9 o0,0!10 o0,0!11"
                 + " o0,0!12 o0,0!13 o0,0!14 o0,0!15 o0,0!16 o0,0!17 o0,0!18 o0,0!19 o0,0!20 o0,0!21 r0 o1,1?13"
                 + " o1,0!23,1?1 u19,22 &19,22 !27 &26,28 &2,29 u2,29 !31 u30,32 &25,33 u24,34 &23,2 &36,3 &37,4 &38,5"
                 + " &39,6 &40,7 &41,8 o0,0!33,1!42,3!32 =0,35 =4,32");
         least("wide 3", h, 42, 0);
-    }
-
-    /** Makes schemas: a kind with its numbers, for records 1 or 0 and then labels with ! or ? and an item, or = with a name and a schema. */
-    private static Formwarden told(String all) {
-        Formwarden f = new Formwarden();
-        for (String one : all.split(" ")) {
-            char kind = one.charAt(0);
-            String[] told = one.substring(1).split(",");
-            int[] n = new int[3];
-            for (int i = 0; i < told.length && kind != 'o' && !told[i].isEmpty(); i++) {
-                n[i] = Integer.parseInt(told[i]);
-            }
-            if (kind == '=') {
-                f.bind(n[0], n[1]);
-                continue;
-            }
-            int s = f.schema(kind, kind == 'o' ? Integer.parseInt(told[0]) : n[0], n[1], n[2]);
-            for (int i = 1; i < told.length && kind == 'o'; i++) {
-                f.field(s, told[i].charAt(0) - '0', Integer.parseInt(told[i].substring(2)), told[i].charAt(1) == '!');
-            }
-        }
-        return f;
     }
 
     /** Beside a pinned chain stands a record that is only told not to be empty: any single label is enough for it. */
