@@ -2268,6 +2268,7 @@ public final class Formwarden {
                 if (place < 0) {
                     return false;
                 }
+                give(ground, groundBits < 0 ? 0 : 2 << groundBits);
                 ground = place;
                 groundBits = width;
             }
