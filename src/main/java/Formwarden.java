@@ -3862,6 +3862,9 @@ public final class Formwarden {
                     int way = STEPS[i] / TURNS;
                     found = way == 0 ? up(must, mustNot, found, turn) : way == 1 ? down(must, mustNot, found, turn)
                             : way == 2 ? confined(must, mustNot, found, turn) : anySize(must, mustNot, found, turn);
+                    // Greater ones all count the same.
+                    found = isThere && lower >= MOST_SIZE ? MOST_SIZE : found;
+                    isSure |= found <= lower;
                 }
                 found = found == Needs.ENDLESS && isThere ? lower : found;
                 answers[place] = (found == Needs.ENDLESS ? 0 : found) | (isSure ? 0 : UNSURE);

@@ -33,6 +33,7 @@ public final class ViewBoundsTest {
         new ViewBoundsTest().swaps();
         new ViewBoundsTest().depths();
         new ViewBoundsTest().madeNew();
+        new ViewBoundsTest().madeDeep();
         viewFull();
         new ViewBoundsTest().mergeNoSuch();
         new ViewBoundsTest().merges();
@@ -385,6 +386,34 @@ public final class ViewBoundsTest {
         Check.due("nothing new is put back", f.values(), before + 4);
     }
 
+    /** Terms: what is made new down to the depth 6, the deepest one first. */
+    private void madeDeep() {
+        int record = rec(s2);
+        f.step('s', 0, 2);
+        for (int i = 0; i < 4; i++) {
+            f.step('w', 0, 0);
+        }
+        int before = f.values();
+        int view = f.get(record);
+        Check.due("six are new", f.values(), before + 6);
+        Check.due("the view comes last", view, before + 5);
+        int inner = f.part(view, 0);
+        for (int i = 4; i > 0; i--) {
+            Check.due("each one's part ahead of it " + i, inner, before + i);
+            Check.due("a list of one " + i, f.numberOf(inner), 1);
+            inner = f.part(inner, 0);
+        }
+        Check.due("the symbol first", inner, before);
+        Check.due("the symbol", f.numberOf(inner), 7);
+        Check.due("put back", f.put(record, view), record);
+        f.clearSteps();
+        int list = f.part(view, 0);
+        f.step('a', 2, list);
+        f.step('r', 2, 1);
+        f.step('n', 0, 1);
+        State.raises("no record at 1", f, UNSUPPORTED, () -> f.get(rec(s2)));
+    }
+
     /** Promises 25 and 26: IllegalStateException if a value would be made that is none of the 200. */
     private static void viewFull() {
         for (int free = 0; free <= 3; free++) {
@@ -708,5 +737,13 @@ public final class ViewBoundsTest {
         }
         f.value('z', 0);
         Check.due("of seven", f.meanSize(), (sum + 1.0) / 7.0);
+        int deep = v;
+        for (int i = -99; i <= 99; i++) {
+            int number = i;
+            Check.answer(() -> f.value('n', number));
+        }
+        Check.due("200 values", f.values(), 200);
+        State.raises("one more", f, STATE, () -> f.list(f.part(deep, 0), f.part(deep, 0), -1, -1));
+        Check.due("of 200", f.meanSize(), (sum + 194.0) / 200.0);
     }
 }
