@@ -1667,15 +1667,13 @@ public final class Formwarden {
             return those;
         }
 
-        /** Whether nothing at a label serves as well as a value that is told by such bits. */
-        boolean isNothingAsGood(long row, int label) {
-            if (rising == falling) {
+        /** Whether nothing at a label serves as well as a value that is told by such bits, if some record schemas help and some harm. */
+        boolean isNothingAsGood(long row, int label, long helpful, long harmful) {
+            if (helpful == harmful) {
                 return false;
             }
             long key = keyOf(row, label);
-            long lost = key & ~lacking[label];
-            long won = lacking[label] & ~key;
-            return (lost & recordsAmong(rising)) == 0 && (won & recordsAmong(falling)) == 0;
+            return (key & ~lacking[label] & helpful) == 0 && (lacking[label] & ~key & harmful) == 0;
         }
 
         /** Those of the schemas that matter at a label on which some of these record schemas hang. */
@@ -2388,8 +2386,8 @@ public final class Formwarden {
         private final int[] starts = new int[MOST_SIZE + 2];
         private int top;
         /** The bits that it helps to have, and those that it helps not to have. */
-        private long more;
-        private long fewer;
+        long more;
+        long fewer;
         /** Where the rows start that came since rows were closed: others may still take their place. */
         int opened;
         /** How many slots are taken: more than there are rows, if rows took the place of others. */
@@ -2521,9 +2519,12 @@ public final class Formwarden {
                 return false;
             }
             if (slotCount > 0 && 2 * taken >= slotCount) {
-                int size = GROWTH * slotCount / 2;
-                size = width <= Room.MOST_MARKED ? Math.min(size, Room.marksFor(width)) : size;
-                widen(room.take(size), size);
+                int before = slots;
+                int words = slotCount / 2;
+                boolean isMarked = width <= Room.MOST_MARKED && Room.marksFor(width) <= GROWTH * words;
+                int size = isMarked ? Room.marksFor(width) : GROWTH * words;
+                widen(room.take(size), size, isMarked);
+                room.give(before, spilled ? 0 : words);
             }
             int place = room.replaces ? outdone(row) : NONE;
             if (place < 0) {
@@ -2613,14 +2614,13 @@ public final class Formwarden {
         }
 
         /** Takes other words to tell which rows there are: more slots, or a mark for each row there can be. */
-        private void widen(int place, int size) {
+        private void widen(int place, int size, boolean isMarked) {
             spilled |= place < 0;
             if (spilled) {
                 return;
             }
-            room.give(slots, slotCount / 2);
             slots = place;
-            slotCount = width <= Room.MOST_MARKED && Room.marksFor(width) <= size ? 0 : 2 * size;
+            slotCount = isMarked ? 0 : 2 * size;
             Arrays.fill(room.words, slots, slots + size, 0);
             taken = 0;
             for (int i = label < 0 ? 0 : 1; i < count; i++) {
@@ -2944,7 +2944,8 @@ public final class Formwarden {
             depths[one] = Math.min(depths[one], depths[two]);
             mays[one] |= mays[two];
             mayNots[one] |= mayNots[two];
-            freshen(one);
+            fresh += isFresh[one] ? 0 : 1;
+            isFresh[one] = true;
             wants[two] = wants[last];
             misses[two] = misses[last];
             depths[two] = depths[last];
@@ -3084,11 +3085,33 @@ public final class Formwarden {
             isAnySize = true;
         }
 
-        /** The smallest size from the least one on, and below another one, of a value of all these and of none of those. */
-        int find(long ofAll, long ofNone, int leastSize, int below) {
+        /** Asks for a value of all these and of none of those, of this size or a greater one. */
+        void ask(long ofAll, long ofNone, int leastSize) {
+            must = ofAll;
+            least = leastSize;
+            mustNot = least > 1 ? ofNone | Logic.PARTLESS : ofNone;
+            best = ENDLESS;
+            largest = 0;
+            floor = 1;
+            demands.start(ofAll, ofNone, least > 1, limit < ENDLESS);
+            for (int i = 0; i < Demands.MOST_SPREADS && demands.fresh > 0; i++) {
+                demands.spread();
+            }
+            demands.end();
+            cone.prepare(demands.helpful, demands.harmful, least > 1);
+            startTables();
+            startJoins();
+        }
+
+        /** The smallest size below this of what was asked for. */
+        int find(int below) {
             boolean isConfined = limit < ENDLESS;
             limit = isConfined ? below - 1 : ENDLESS;
-            begin(ofAll, ofNone, leastSize);
+            for (int t = 0; t < PAIRS; t++) {
+                planSum(t, 0);
+                fill(t);
+                tables[INTO[t]].close(0);
+            }
             addLeaves();
             boolean goesOn = closeAll(1);
             int size = 2;
@@ -3143,23 +3166,6 @@ public final class Formwarden {
             return best;
         }
 
-        private void begin(long ofAll, long ofNone, int leastSize) {
-            must = ofAll;
-            least = leastSize;
-            mustNot = least > 1 ? ofNone | Logic.PARTLESS : ofNone;
-            best = ENDLESS;
-            largest = 0;
-            floor = 1;
-            demands.start(ofAll, ofNone, least > 1, limit < ENDLESS);
-            for (int i = 0; i < Demands.MOST_SPREADS && demands.fresh > 0; i++) {
-                demands.spread();
-            }
-            demands.end();
-            cone.prepare(demands.helpful, demands.harmful, least > 1);
-            startTables();
-            startJoins();
-        }
-
         private void startTables() {
             room.replaces = isAnySize;
             room.clear(cone.listWidth(), cone.recordWidth());
@@ -3204,11 +3210,6 @@ public final class Formwarden {
             }
             room.need = 0;
             idle[PAIRS] = idle[JOINS + 2] && idle[THREES] && idle[FOURS];
-            for (int t = 0; t < PAIRS; t++) {
-                planSum(t, 0);
-                fill(t);
-                tables[INTO[t]].close(0);
-            }
         }
 
         private void addLeaves() {
@@ -3237,7 +3238,7 @@ public final class Formwarden {
             for (int label = 0; label < LABELS; label++) {
                 if ((places >> label & 1) == 1 || demands.serves(label, bits, limit - size)) {
                     long row = cone.atLabel(bits, label);
-                    isNew |= !cone.isNothingAsGood(row, label) && tables[label].insert(row);
+                    isNew |= !cone.isNothingAsGood(row, label, tables[LEFT].more, tables[LEFT].fewer) && tables[label].insert(row);
                 }
             }
             largest = isNew ? size : largest;
@@ -3778,10 +3779,10 @@ public final class Formwarden {
          * taken: those that take less time first.
          */
         private static final int TURNS = 3;
-        private static final int[] STEPS = {0, 3, 1, 10, 7, 4, 11, 8, 2, 5};
+        private static final int[] STEPS = {0, 3, 1, 10, 7, 8, 4, 11, 2, 5};
         private static final int SHORT_STEPS = 3;
-        private static final int[] ROWS = {512, 8192, 1 << 26};
-        private static final long[] PAIRS = {3200000, 80000000, 6000000000L};
+        private static final int[] ROWS = {512, 1 << 20, 1 << 26};
+        private static final long[] PAIRS = {3200000, 240000000, 6000000000L};
         private static final int[] ASKED = {50000, 700000, 1500000};
         /** The same on the way to sizes that rise, for any size, and where some rows are left out. */
         private static final long[] PAIRS_CONFINED = {0, 80000000, 2400000000L};
@@ -3900,7 +3901,8 @@ public final class Formwarden {
         private int up(long must, long mustNot, int known, int turn) {
             long most = PAIRS[turn];
             climb.allow(ROWS[turn], most);
-            int size = climb.find(must, mustNot, 1, known);
+            climb.ask(must, mustNot, 1);
+            int size = climb.find(known);
             int found = climb.isAnySize ? known : Math.min(known, size);
             long pairs = most - climb.pairs;
             lower = Math.max(lower, climb.floor);
@@ -3910,7 +3912,8 @@ public final class Formwarden {
             if (!isSure && found == Needs.ENDLESS && turn > 0) {
                 climb.allow(MOST_ROWS_THIN, PAIRS_THIN);
                 climb.thinOut(ROWS_OF_SIZE);
-                found = climb.find(must, mustNot, 1, found);
+                climb.ask(must, mustNot, 1);
+                found = climb.find(found);
                 pairs += PAIRS_THIN - climb.pairs;
             }
             patience -= turn == TURNS - 1 ? (int) (pairs / PAIRS_A_QUESTION) : 0;
@@ -3924,7 +3927,8 @@ public final class Formwarden {
             }
             climb.allow(ROWS[turn], PAIRS_ANY[turn]);
             climb.leaveSizes();
-            isThere = climb.find(must, mustNot, 1, known) < Needs.ENDLESS;
+            climb.ask(must, mustNot, 1);
+            isThere = climb.find(known) < Needs.ENDLESS;
             isSure = climb.isSure && !isThere;
             patience -= turn == TURNS - 1 ? (int) ((PAIRS_ANY[turn] - climb.pairs) / PAIRS_A_QUESTION) : 0;
             return known;
@@ -3944,7 +3948,8 @@ public final class Formwarden {
                 int below = Math.min(found, Math.min(reach, MOST_SIZE));
                 climb.allow(ROWS[turn], pairs);
                 climb.confine();
-                found = Math.min(found, climb.find(must, mustNot, 1, below));
+                climb.ask(must, mustNot, 1);
+                found = Math.min(found, climb.find(below));
                 pairs = climb.pairs;
                 lower = Math.max(lower, climb.floor);
                 isSure = climb.isSure || found <= lower;
@@ -3983,7 +3988,8 @@ public final class Formwarden {
                     if (pairs > 0 && needs.isUntried()) {
                         long share = Math.min(pairs, PART_PAIRS[turn] / SHARE);
                         climb.allow(ROWS[turn], share);
-                        int size = climb.find(needs.yes[needs.current], needs.no[needs.current], Needs.LEAST_DEEP, best);
+                        climb.ask(needs.yes[needs.current], needs.no[needs.current], Needs.LEAST_DEEP);
+                        int size = climb.find(best);
                         pairs -= share - climb.pairs;
                         isClimbed = climb.isSure || climb.floor >= best;
                         best = Math.min(best, size);

@@ -34,9 +34,11 @@ public final class ViewBoundsTest {
         new ViewBoundsTest().depths();
         new ViewBoundsTest().madeNew();
         new ViewBoundsTest().madeDeep();
+        valueZero();
         viewFull();
         new ViewBoundsTest().mergeNoSuch();
         new ViewBoundsTest().merges();
+        new ViewBoundsTest().mergesDeep();
         new ViewBoundsTest().mergedNew();
         new ViewBoundsTest().conflicting();
         mergeFull();
@@ -386,6 +388,47 @@ public final class ViewBoundsTest {
         Check.due("nothing new is put back", f.values(), before + 4);
     }
 
+    /** The value with the number 0 is a value like all others. */
+    private static void valueZero() {
+        Formwarden g = new Formwarden();
+        int zero = g.value('s', 2);
+        int none = g.record();
+        int at = g.with(none, 0, zero);
+        int host = g.with(none, 1, none);
+        int both = g.with(host, 0, zero);
+        int nested = g.with(none, 1, at);
+        Object[][] steps = {{'n', 0, 1, both, nested}, {'r', 0, 3, at, g.with(none, 3, zero)}, {'d', 0, 0, at, none},
+            {'a', 0, zero, none, at}, {'w', 0, 0, at, g.with(none, 0, g.list(zero, -1, -1, -1))},
+            {'s', 0, 2, at, g.with(none, 0, g.value('s', 7))}, {'s', 0, 7, at, g.with(none, 0, g.value('s', 7))}};
+        for (Object[] s : steps) {
+            g.clearSteps();
+            g.step((Character) s[0], (Integer) s[1], (Integer) s[2]);
+            Check.due("value 0 by " + s[0] + ", got", g.get((Integer) s[3]), s[4]);
+            Check.due("value 0 by " + s[0] + ", put", g.put((Integer) s[3], (Integer) s[4]), s[3]);
+        }
+        g.clearSteps();
+        g.step('n', 0, 1);
+        int taken = g.with(nested, 0, none);
+        State.raises("value 0 at its label", g, UNSUPPORTED, () -> g.get(taken));
+        State.raises("value 0 at its label, nothing goes", g, UNSUPPORTED, () -> g.get(nested));
+        State.raises("value 0 at the label, undone", g, UNSUPPORTED, () -> g.put(host, both));
+        int filled = g.with(nested, 0, zero);
+        State.raises("value 0 at the label, comes out", g, UNSUPPORTED, () -> g.put(host, filled));
+        g.clearSteps();
+        g.step('r', 3, 0);
+        State.raises("value 0 where nothing must be", g, UNSUPPORTED, () -> g.get(at));
+        g.clearSteps();
+        g.step('a', 0, none);
+        State.raises("value 0 where something comes", g, UNSUPPORTED, () -> g.get(at));
+        Check.due("value 0 merged", g.merge(none, at, none), at);
+        Check.due("value 0 gone", g.merge(at, none, at), none);
+        Check.due("value 0 in conflict", g.merge(none, at, g.with(none, 0, none)), at);
+        Check.due("one conflict", g.conflicts(), 1);
+        g.sample(zero);
+        g.sample(at);
+        Check.due("value 0 as a sample", g.fits(g.infer()), true);
+    }
+
     /** Terms: what is made new down to the depth 6, the deepest one first. */
     private void madeDeep() {
         int record = rec(s2);
@@ -492,6 +535,20 @@ public final class ViewBoundsTest {
         merged("the first is longer", lists[3], f.list(s2, n, -1, -1), lists[2], f.list(s2, n, -1, -1), 1);
         merged("a list and records", lists[1], rec(n), rec(s2), rec(n), 1);
         merged("a record and lists", rec(n), lists[1], list(s2), lists[1], 1);
+    }
+
+    /** Terms: what is merged at the greatest depth. */
+    private void mergesDeep() {
+        int z = f.value('z', 0);
+        int[] three = {f.list(n, n, n, -1), f.list(s2, n, n, -1), f.list(n, n, z, -1), f.list(s2, n, z, -1)};
+        for (int depth = 3; depth <= 6; depth++) {
+            for (int i = 0; i < 4; i++) {
+                three[i] = depth % 2 == 0 ? list(three[i]) : f.with(empty, 1, three[i]);
+            }
+            merged("depth " + depth, three[0], three[1], three[2], three[3], 0);
+            merged("depth " + depth + ", both the same there", three[0], three[1], three[3], three[3], 0);
+            merged("depth " + depth + ", taken back by one", three[1], three[0], three[3], three[2], 0);
+        }
     }
 
     /** Terms: what is made new of what is merged. */
@@ -695,6 +752,38 @@ public final class ViewBoundsTest {
         }
         Check.due("'0' as the 50th", f.infer(), 49);
         State.raises("'0' as the 51st", f, STATE, () -> f.infer());
+        manyFromNone();
+    }
+
+    /** Records of records of records of numbers: 1 + 4 * (1 + 4 * (1 + 4)) schemas at once. */
+    private static void manyFromNone() {
+        Formwarden f = new Formwarden();
+        int v = f.value('n', 1);
+        for (int i = 0; i < 3; i++) {
+            int inner = v;
+            v = f.record();
+            for (int label = 0; label < 4; label++) {
+                v = f.with(v, label, inner);
+            }
+            if (i == 1) {
+                f.sample(v);
+                Check.due("21 at once", f.infer(), 20);
+                f.clearSamples();
+            }
+        }
+        Formwarden g = new Formwarden();
+        int w = g.value('n', 1);
+        for (int i = 0; i < 3; i++) {
+            int inner = w;
+            w = g.record();
+            for (int label = 0; label < 4; label++) {
+                w = g.with(w, label, inner);
+            }
+        }
+        g.sample(w);
+        State.raises("85 at once", g, STATE, () -> g.infer());
+        Check.due("no schema was made", g.schemas(), 0);
+        Check.due("the first schema", g.schema('a', 0, 0, 0), 0);
     }
 
     /** Promise 34: ArithmeticException if there are none; IndexOutOfBoundsException if there is no such schema. */
