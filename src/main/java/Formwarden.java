@@ -2147,6 +2147,7 @@ public final class Formwarden {
         /** The most bits for which there can be a mark, and a count, for each row. */
         static final int MOST_MARKED = 26;
         private static final int MOST_COUNTED = 20;
+        private static final int MOST_SPLITS = 4;
         static final long SPREAD = 0x9E3779B97F4A7C15L;
         private static final int[] SIZES = {1 << 14, 1 << 18, 18 << 18};
         private static final int WORD_BITS = 6;
@@ -2256,9 +2257,9 @@ public final class Formwarden {
         }
 
         /** Makes ready for counts of all rows of these bits, which have others all; false if there is no room. */
-        boolean clearGround(long bits, long always) {
-            int width = Long.bitCount(bits);
-            if (width > MOST_COUNTED) {
+        boolean takeGround(long bits, long always) {
+            int width = Math.min(Long.bitCount(bits), MOST_COUNTED);
+            if (Long.bitCount(bits) > MOST_COUNTED + MOST_SPLITS) {
                 return false;
             }
             if (width > groundBits) {
@@ -2272,8 +2273,44 @@ public final class Formwarden {
             }
             spots = bits;
             fixed = always;
-            Arrays.fill(words, ground, ground + (2 << width), 0);
             return true;
+        }
+
+        /** Whether what rows of two tables have together is told by counts. */
+        boolean isCounted() {
+            return spots != NONE;
+        }
+
+        /** Forgets the counts. */
+        void leaveGround() {
+            spots = NONE;
+        }
+
+        /** How many rows are counted at once. */
+        int groundSize() {
+            return 1 << Math.min(Long.bitCount(spots), MOST_COUNTED);
+        }
+
+        /** In how many parts rows are counted: by each of the top bits there are three, see Climb.count. */
+        int groundParts() {
+            int parts = 1;
+            for (int i = MOST_COUNTED; i < Long.bitCount(spots); i++) {
+                parts *= 3;
+            }
+            return parts;
+        }
+
+        /** The bits that are too many to be counted at once. */
+        long topSpots() {
+            long top = spots;
+            for (int i = 0; i < MOST_COUNTED; i++) {
+                top &= top - 1;
+            }
+            return top;
+        }
+
+        void clearGround() {
+            Arrays.fill(words, ground, ground + 2 * groundSize(), 0);
         }
 
         /** Puts a row on the ground: on its first or second half. */
@@ -2284,7 +2321,7 @@ public final class Formwarden {
                 place |= (int) (row >> Long.numberOfTrailingZeros(rest) & 1) << i;
                 rest &= rest - 1;
             }
-            words[ground + (half << Long.bitCount(spots)) + place] = 1;
+            words[ground + half * groundSize() + place] = 1;
         }
 
         /**
@@ -2292,9 +2329,9 @@ public final class Formwarden {
          * of those that have all its bits are multiplied, and then those that have more bits are taken away.
          */
         void countPairs() {
-            int size = 1 << Long.bitCount(spots);
-            for (int step = 1; step < 2 * size; step *= 2) {
-                for (int from = 0; from < 2 * size && step < size; from += 2 * step) {
+            int size = groundSize();
+            for (int step = 1; step < size; step *= 2) {
+                for (int from = 0; from < 2 * size; from += 2 * step) {
                     for (int i = ground + from; i < ground + from + step; i++) {
                         words[i] += words[i + step];
                     }
@@ -2312,31 +2349,20 @@ public final class Formwarden {
             }
         }
 
-        /** Whether what rows of two tables have together is told by counts. */
-        boolean isCounted() {
-            return spots != NONE;
-        }
-
-        /** Forgets the counts. */
-        void leaveGround() {
-            spots = NONE;
-        }
-
-        /** How many rows there can be on the ground. */
-        int groundSize() {
-            return 1 << Long.bitCount(spots);
-        }
-
-        /** Puts rows that were counted in the lane, those from a place on; returns how many. */
+        /** Puts rows that were counted in the lane, those from a place on, all parts being one behind the other; returns how many. */
         int load(int from, int to) {
             int loaded = 0;
+            int size = groundSize();
             loadedTo = Math.min(to, from + LANE);
             for (int i = from; i < loadedTo; i++) {
-                if (words[ground + i] != 0) {
+                if (words[ground + (i & size - 1)] != 0) {
                     long row = fixed;
                     long rest = spots;
-                    for (int bit = 0; bit < MOST_COUNTED && rest != 0; bit++) {
-                        row |= (long) (i >> bit & 1) << Long.numberOfTrailingZeros(rest);
+                    int part = i / size;
+                    for (int bit = 0; bit < MOST_COUNTED + MOST_SPLITS && rest != 0; bit++) {
+                        boolean has = bit < MOST_COUNTED ? (i >> bit & 1) == 1 : part % 3 == 0;
+                        row |= has ? rest & -rest : 0;
+                        part /= bit < MOST_COUNTED ? 1 : 3;
                         rest &= rest - 1;
                     }
                     lane[loaded] = row;
@@ -2986,10 +3012,9 @@ public final class Formwarden {
         /** What a pair of rows costs that is joined for a table, and what is taken in at once and not known yet. */
         private static final int PRICE_FOR_TABLE = 8;
         private static final int PRICE = 24;
-        private static final int PRICE_FOR_COUNT = 128;
+        private static final int PRICE_FOR_COUNT = 48;
         /** From how many pairs on it is looked whether to count takes less time than to join them. */
         private static final int MANY = 1 << 18;
-        private static final int HALF = 32;
         private static final int RANGE = 4;
 
         private final Cone cone;
@@ -3291,7 +3316,8 @@ public final class Formwarden {
                 addRange(one.startOf(size), one.startOf(size + 1), other.behind(sum - size), otherEnd);
             }
             addRange(before < 0 ? one.behind(MOST_SIZE) : before, one.opened, 0, otherEnd);
-            addRange(0, before, done[2 * t + 1], otherEnd);
+            // What is joined with itself needs no pair twice.
+            addRange(0, one == other ? 0 : before, done[2 * t + 1], otherEnd);
             done[2 * t] = one.opened;
             done[2 * t + 1] = otherEnd;
             long all = 0;
@@ -3320,21 +3346,54 @@ public final class Formwarden {
                 always &= key;
                 otherSome |= key;
             }
-            long bits = some & otherSome & ~always;
-            long price = (long) PRICE_FOR_COUNT << Math.min(Long.bitCount(bits), HALF);
-            if (price > all || !room.clearGround(bits, always)) {
+            if (!room.takeGround(some & otherSome & ~always, always)) {
                 return;
             }
-            for (int i = 0; i < one.opened; i++) {
-                room.lay(one.keyAt(i), 0);
+            long price = (long) room.groundSize() * PRICE_FOR_COUNT * room.groundParts();
+            if (price > all) {
+                room.leaveGround();
+                return;
             }
-            for (int i = 0; i < other.opened; i++) {
-                room.lay(other.keyAt(i), 1);
-            }
-            room.countPairs();
             pairs -= price;
             room.rangesEnd = 0;
-            addRange(0, 1, 0, room.groundSize());
+            addRange(0, 1, 0, room.groundSize() * room.groundParts());
+        }
+
+        /**
+         * Counts what all rows have together that are in one part. Of each bit that is too much to be counted with the
+         * others, three parts tell: both have it; the one has it not, whatever the other has; only the one has it.
+         */
+        private void count(int t, int part) {
+            Table one = ones[t];
+            Table other = others[t];
+            long rest = room.topSpots();
+            long oneMask = rest;
+            long oneHas = 0;
+            long otherMask = 0;
+            long otherHas = 0;
+            int told = part;
+            for (int i = 0; i < Long.SIZE && rest != 0; i++) {
+                long bit = rest & -rest;
+                rest &= rest - 1;
+                oneHas |= told % 3 == 1 ? 0 : bit;
+                otherMask |= told % 3 == 1 ? 0 : bit;
+                otherHas |= told % 3 == 0 ? bit : 0;
+                told /= 3;
+            }
+            room.clearGround();
+            for (int i = 0; i < one.opened; i++) {
+                long key = one.keyAt(i);
+                if ((key & oneMask) == oneHas) {
+                    room.lay(key, 0);
+                }
+            }
+            for (int i = 0; i < other.opened; i++) {
+                long key = other.keyAt(i);
+                if ((key & otherMask) == otherHas) {
+                    room.lay(key, 1);
+                }
+            }
+            room.countPairs();
         }
 
         /** Whether there is nothing to join; lists of a length that no schema takes are all alike, and the first one is the smallest one. */
@@ -3348,6 +3407,9 @@ public final class Formwarden {
             for (int r = 0; r < room.rangesEnd; r += RANGE) {
                 int at = room.ranges[r + 2];
                 for (int n = at; n < room.ranges[r + 3] && at < room.ranges[r + 3] && !into.spilled; n++) {
+                    if (room.isCounted() && (at & room.groundSize() - 1) == 0) {
+                        count(t, at / room.groundSize());
+                    }
                     int loaded = room.isCounted() ? room.load(at, room.ranges[r + 3]) : others[t].load(at, room.ranges[r + 3], masks[t]);
                     at = room.loadedTo;
                     for (int i = room.ranges[r]; i < room.ranges[r + 1] && loaded > 0 && !into.spilled; i++) {
@@ -3373,6 +3435,9 @@ public final class Formwarden {
             for (int r = 0; r < room.rangesEnd; r += RANGE) {
                 int at = room.ranges[r + 2];
                 for (int n = at; n < room.ranges[r + 3] && at < room.ranges[r + 3] && pairs > 0 && best == ENDLESS; n++) {
+                    if (room.isCounted() && (at & room.groundSize() - 1) == 0) {
+                        count(t, at / room.groundSize());
+                    }
                     int loaded = room.isCounted() ? room.load(at, room.ranges[r + 3]) : others[t].load(at, room.ranges[r + 3], masks[t]);
                     at = room.loadedTo;
                     for (int i = room.ranges[r]; i < room.ranges[r + 1] && loaded > 0 && pairs > 0 && best == ENDLESS; i++) {
@@ -3786,7 +3851,7 @@ public final class Formwarden {
         private static final int[] ASKED = {50000, 700000, 1500000};
         /** The same on the way to sizes that rise, for any size, and where some rows are left out. */
         private static final long[] PAIRS_CONFINED = {0, 80000000, 2400000000L};
-        private static final long[] PAIRS_ANY = {0, 80000000, 2400000000L};
+        private static final long[] PAIRS_ANY = {0, 80000000, 6000000000L};
         private static final int MOST_ROWS_THIN = 8192;
         private static final long PAIRS_THIN = 80000000;
         private static final long[] PART_PAIRS = {3200000, 80000000, 960000000};
@@ -3867,7 +3932,9 @@ public final class Formwarden {
                     found = isThere && lower >= MOST_SIZE ? MOST_SIZE : found;
                     isSure |= found <= lower;
                 }
-                found = found == Needs.ENDLESS && isThere ? lower : found;
+                // Of what has no small value and very many kinds of great ones there most often is one.
+                boolean isGreat = !isSure && lower >= MOST_SIZE;
+                found = found == Needs.ENDLESS && (isThere || isGreat) ? Math.min(lower, MOST_SIZE) : found;
                 answers[place] = (found == Needs.ENDLESS ? 0 : found) | (isSure ? 0 : UNSURE);
             }
             int answer = answers[place] & ~UNSURE;
