@@ -3859,7 +3859,7 @@ public final class Formwarden {
         private static final int SHARE = 64;
         private static final int ROWS_OF_SIZE = 200;
         /** How many questions the turns that are not short may ask in all, and what pairs of rows count as one question. */
-        private static final int PATIENCE = 100000000;
+        private static final int PATIENCE = 60000000;
         private static final int PAIRS_A_QUESTION = 1024;
         private static final int FRESH = 32;
         private static final int FRESH_PROOF = 8;

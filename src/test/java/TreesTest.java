@@ -18,6 +18,8 @@ public final class TreesTest {
         }
         lists(9, 2, 9, 9, 2);
         lists(11, 1, 11, 11, 2);
+        lists(14, 1, 14, 14, 2);
+        lists(16, 2, 16, 16, 2);
         chance();
         Check.end("TreesTest");
     }
