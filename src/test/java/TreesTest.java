@@ -11,6 +11,7 @@ public final class TreesTest {
 
     public static void main(String[] args) {
         told();
+        made();
         int[][] forms = {{4, 1, 4, 4, 2}, {7, 2, 7, 7, 2}, {9, 1, 8, 9, 3}, {11, 3, 11, 11, 2}, {10, 2, 9, 10, 4}, {12, 1, 12, 12, 3},
             {14, 1, 14, 14, 2}, {13, 2, 13, 13, 4}, {15, 4, 15, 15, 2}, {17, 3, 17, 17, 2}, {16, 5, 14, 16, 2}, {18, 6, 18, 14, 2}};
         for (int[] form : forms) {
@@ -21,6 +22,7 @@ public final class TreesTest {
         lists(14, 1, 14, 14, 2);
         lists(16, 2, 16, 16, 2);
         chance();
+        none();
         Check.end("TreesTest");
     }
 
@@ -44,6 +46,35 @@ public final class TreesTest {
         Check.due("18 links: the number of schemas", t, 48);
         Check.due("18 links", g.least(t), 42);
         Check.due("18 links, the gap", g.gap(t, g.schema('0', 0, 0, 0)), 42);
+    }
+
+    /** Values that were made and are not of what is asked for tell nothing; one that is does. */
+    private static void made() {
+        Formwarden f = new Formwarden();
+        int s = meet(f, 14, 1, 14, 14, 2);
+        int[] v = {f.value('z', 0), f.record(), f.with(f.record(), 0, 1), f.with(f.record(), 1, 1), f.list(0, 1, 2, 3)};
+        int chain = f.with(f.record(), 1, f.record());
+        for (int i = 0; i < 4; i++) {
+            chain = f.with(f.record(), 1, chain);
+        }
+        for (int value : v) {
+            Check.due("made, and not of it", f.isOf(value, s), false);
+        }
+        int none = f.schema('0', 0, 0, 0);
+        Check.due("with values that were made", f.least(s), 39);
+        Check.due("with values that were made, the gap", f.gap(s, none), 39);
+        Check.due("with values that were made, borne out", f.isBorneOut(s, none), true);
+        Check.due("what a made value is of", f.least(f.schema('u', s, f.schema('z', 0, 0, 0), 0)), 1);
+        Formwarden g = new Formwarden();
+        int deep = g.list(g.value('z', 0), -1, -1, -1);
+        for (int i = 0; i < 4; i++) {
+            deep = g.list(deep, -1, -1, -1);
+        }
+        int t = meet(g, 13, 2, 13, 13, 2);
+        int either = g.schema('u', t, g.schema('l', g.schema('a', 0, 0, 0), 1, 1), 0);
+        Check.due("a made value of it", g.isOf(deep, either), true);
+        Check.due("a smaller one than was made", g.least(either), 2);
+        Check.due("with a deep value", g.least(t), smallest(13, 2, 13, 13, 2));
     }
 
     /**
@@ -190,6 +221,22 @@ public final class TreesTest {
         least("lists " + links + " " + near + " " + far, f, s, 1000);
     }
 
+    /**
+     * Trees of four labels and two names, made by chance: all kinds of them of any size have to be told apart, some
+     * hundred thousand, to see that none is asked for.
+     */
+    private static void none() {
+        StringBuilder all = new StringBuilder("a r0 r1 o0,0!0 ");
+        for (int i = 3; i <= 22; i++) {
+            String told = "o0,0?" + i + ",1?" + i + ",2?" + i + ",3?" + i + " ";
+            all.append(i == 20 ? "o0,3!0 " : told);
+        }
+        Formwarden f = Told.schemas(all + "o1,0?0,1!1,3?2 u20,13 &20,13 !26 &25,27 u3,28 &3,28 !30 &29,31 &24,32 =0,33"
+                + " o1,0?1,2?0,3?1 u18,15 &18,15 !36 &35,37 u3,38 !39 &3,38 u41,40 &34,42 =1,43 &1,3 &44,4 &45,5 &46,6 &47,7 &48,8");
+        Check.due("schemas", f.schemas(), 50);
+        least("none", f, 49, 0);
+    }
+
     /** Made by chance; what is due was found by making all kinds up to this size, elsewhere and by other means. */
     private static void chance() {
         String later = "o0,0?2,1?2 o0,0?3,1?3 o0,0?4,1?4 o0,0?5,1?5 o0,0?6,1?6 o0,0?7,1?7 o0,0?8,1?8 o0,0?9,1?9 o0,0?10,1?10"
@@ -203,5 +250,13 @@ public final class TreesTest {
                 + " u32,31 &25,33 =0,34 &1,2 &35,3 &36,4 &37,5 &38,6 &39,7 &40,8 &41,9 &42,10 &43,11 &44,12 &45,13 &46,14 &47,15"
                 + " &48,16");
         least("chance 2", g, 49, 26);
+        // The smallest tree is 21, and beside it stands a list of 22: it takes a look for just one less than that.
+        Formwarden h = Told.schemas("a r0 o0,1!0 " + later + "o0,0?23,1?23 o1,0?0,1?1 u24,7 &24,7 !27 &26,28 u2,29 !30 &2,29"
+                + " u32,31 &25,33 =0,34 &1,2 &35,3 &36,4 &37,5 &38,6 &39,7 &40,8 &41,9 &42,10 &43,11 z l45,4,4 l46,4,4 l47,1,1 u44,48");
+        least("the list beside", h, 48, 22);
+        least("chance 3", h, 49, 21);
+        least("chance 3 alone", h, 44, 21);
+        Check.due("chance 3 within", h.isWithin(44, 49), true);
+        Check.due("chance 3, the gap", h.gap(49, 48), 21);
     }
 }
