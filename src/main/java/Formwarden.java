@@ -2515,7 +2515,7 @@ public final class Formwarden {
             return loaded;
         }
 
-        /** Joins what a row tells with those in the lane; returns how many there are of which it is not seen at once that they are known. */
+        /** Joins what a row tells with those in the lane; returns how many of them are not seen at once to be known. */
         int sift(long key, int loaded) {
             int found = 0;
             boolean isMarked = slotCount == 0;
@@ -3259,7 +3259,8 @@ public final class Formwarden {
                 return false;
             }
             int places = size < least ? -1 : size == 1 ? demands.singles : 0;
-            boolean isNew = ((places >> IN_LIST & 1) == 1 || demands.serves(IN_LIST, bits, limit - size)) && tables[ONES].insert(cone.asPart(bits));
+            boolean isPart = (places >> IN_LIST & 1) == 1 || demands.serves(IN_LIST, bits, limit - size);
+            boolean isNew = isPart && tables[ONES].insert(cone.asPart(bits));
             for (int label = 0; label < LABELS; label++) {
                 if ((places >> label & 1) == 1 || demands.serves(label, bits, limit - size)) {
                     long row = cone.atLabel(bits, label);
@@ -3396,7 +3397,7 @@ public final class Formwarden {
             room.countPairs();
         }
 
-        /** Whether there is nothing to join; lists of a length that no schema takes are all alike, and the first one is the smallest one. */
+        /** Whether there is nothing to join; lists of a length that no schema takes are all alike, the first one is the smallest. */
         private boolean isIdle(int t) {
             return idle[t] || ((t == THREES || t == FOURS) && masks[t] == 0 && room.hasSifted(0, Logic.LISTS));
         }
