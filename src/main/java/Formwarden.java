@@ -18,17 +18,54 @@ public final class Formwarden {
     private static final int PLACES = LABELS + 1;
     private static final int NONE = -1;
 
+    /** The ways to find the smallest value, each in some turns, and in which order they are taken: short ones first. */
+    private static final int TURNS = 4;
+    private static final int UP = 0;
+    private static final int DEPTHS = TURNS;
+    private static final int SIZES = 2 * TURNS;
+    private static final int ANY_SIZE = 3 * TURNS;
+    private static final int[] STEPS = {UP, DEPTHS, SIZES, DEPTHS + 1, SIZES + 1, UP + 1, ANY_SIZE + 1, DEPTHS + 2, SIZES + 2,
+        UP + 2, ANY_SIZE + 2, DEPTHS + 3, SIZES + 3};
+    private static final int SHORT_STEPS = 7;
+    /** How many rows a table may have on the way up, and how much may be spent on joining them, for one size or any. */
+    private static final int[] ROWS = {512, 1 << 20, 1 << 26};
+    private static final long[] PAIRS = {3200000, 240000000, 6000000000L};
+    private static final long[] PAIRS_ANY = {0, 80000000, 6000000000L};
+    private static final int MOST_ROWS_THIN = 8192;
+    private static final int ROWS_OF_SIZE = 200;
+    private static final long PAIRS_THIN = 80000000;
+    /** How many clauses may be looked at on the way down. */
+    private static final long[] LOOKS = {3000000, 30000000, 300000000, 3000000000L};
+    /** How much the turns that are not short may take in all, and what pairs of rows and looks count. */
+    private static final int PATIENCE = 60000000;
+    private static final int PAIRS_A_QUESTION = 1024;
+    private static final int LOOKS_A_QUESTION = 256;
+    private static final int UNKNOWN = -1;
+    private static final int UNSURE = 1 << 16;
+
     private final Values pool = new Values();
     private final Schemas book = new Schemas();
     private final Verdicts verdicts = new Verdicts(pool, book);
     private final Schemas toldBook = new Schemas();
     private final Verdicts told = new Verdicts(pool, toldBook);
-    private final Search search = new Search(book, verdicts);
-    private final Makers makers = new Makers(pool, book);
     private final int[] samples = new int[MOST_SAMPLES];
-    private final int[] row = new int[MOST_PARTS];
     private int sampleCount;
     private int clashes;
+    /** The schemas in their plain form, and the ways to find the smallest value (see smallest). */
+    private final Schemas plain = new Schemas();
+    private final Logic logic = new Logic(plain);
+    private final Climb climb = new Climb(plain, logic);
+    private final Ways ways = new Ways(plain, logic);
+    private final Prover depths = new Prover(plain, logic, ways, true);
+    private final Prover sizes = new Prover(plain, logic, ways, false);
+    private final int[] answers = new int[MOST_SCHEMAS * (MOST_SCHEMAS + 1)];
+    private int edition = UNKNOWN;
+    /** Of many hard questions the later ones get less time, so that a run comes to its end. */
+    private int patience = PATIENCE;
+    /** No answer is smaller than this; whether there is one, perhaps of a size that is not known; whether that is settled. */
+    private int lower;
+    private boolean isThere;
+    private boolean isSure;
 
     public Formwarden() {
     }
@@ -41,7 +78,7 @@ public final class Formwarden {
         }
         clearRow();
         pool.dropDrafts();
-        return kept(pool.draft(kind, kind == 'z' ? 0 : number, row, 0));
+        return kept(pool.draft(kind, kind == 'z' ? 0 : number, pool.row, 0));
     }
 
     public int list(int first, int second, int third, int fourth)
@@ -50,16 +87,16 @@ public final class Formwarden {
         if (!isPart(first) || !isPart(second) || !isPart(third) || !isPart(fourth)) {
             throw new IndexOutOfBoundsException("no such value");
         }
-        row[0] = first;
-        row[1] = second;
-        row[2] = third;
-        row[3] = fourth;
+        pool.row[0] = first;
+        pool.row[1] = second;
+        pool.row[2] = third;
+        pool.row[3] = fourth;
         int length = rowLength();
         if (length < 0) {
             throw new IllegalArgumentException("-1 is told ahead of a part");
         }
         pool.dropDrafts();
-        int made = pool.draft('l', length, row, 0);
+        int made = pool.draft('l', length, pool.row, 0);
         if (made < 0) {
             throw new UnsupportedOperationException("the list would be too deep");
         }
@@ -69,7 +106,7 @@ public final class Formwarden {
     public int record() throws IllegalStateException {
         clearRow();
         pool.dropDrafts();
-        return kept(pool.draft('o', 0, row, 0));
+        return kept(pool.draft('o', 0, pool.row, 0));
     }
 
     public int with(int record, int label, int value)
@@ -185,19 +222,19 @@ public final class Formwarden {
 
     public boolean isEmpty(int schema) throws IndexOutOfBoundsException {
         needSchema(schema);
-        return search.smallest(schema, NONE) == 0;
+        return smallest(schema, NONE) == 0;
     }
 
     public boolean isWithin(int schema, int other) throws IndexOutOfBoundsException {
         needSchema(schema);
         needSchema(other);
-        return search.smallest(schema, other) == 0;
+        return smallest(schema, other) == 0;
     }
 
     public int gap(int schema, int other) throws IndexOutOfBoundsException, NoSuchElementException {
         needSchema(schema);
         needSchema(other);
-        int found = search.smallest(schema, other);
+        int found = smallest(schema, other);
         if (found == 0) {
             throw new NoSuchElementException("the schema is within the other one");
         }
@@ -206,7 +243,7 @@ public final class Formwarden {
 
     public int least(int schema) throws IndexOutOfBoundsException, NoSuchElementException {
         needSchema(schema);
-        int found = search.smallest(schema, NONE);
+        int found = smallest(schema, NONE);
         if (found == 0) {
             throw new NoSuchElementException("the schema has no values");
         }
@@ -217,13 +254,13 @@ public final class Formwarden {
 
     public int step(char kind, int a, int b)
             throws IllegalArgumentException, IndexOutOfBoundsException, IllegalStateException {
-        if (!isLabel(a) || !Makers.takes(kind, a, b)) {
+        if (!isLabel(a) || !Values.takes(kind, a, b)) {
             throw new IllegalArgumentException("no such kind, label or symbol, or both labels are the same");
         }
         if (kind == 'a') {
             needValue(b);
         }
-        int steps = makers.add(kind, a, b);
+        int steps = pool.addStep(kind, a, b);
         if (steps < 0) {
             throw new IllegalStateException("there are 8 steps");
         }
@@ -231,8 +268,8 @@ public final class Formwarden {
     }
 
     public int clearSteps() {
-        int before = makers.stepCount;
-        makers.stepCount = 0;
+        int before = pool.stepCount;
+        pool.stepCount = 0;
         return before;
     }
 
@@ -240,7 +277,7 @@ public final class Formwarden {
             throws IndexOutOfBoundsException, UnsupportedOperationException, IllegalStateException {
         needValue(record);
         pool.dropDrafts();
-        int made = makers.viewOf(record);
+        int made = pool.viewOf(record);
         if (made < 0) {
             throw new UnsupportedOperationException("it is no record, a step does not fit, or it is too deep");
         }
@@ -252,7 +289,7 @@ public final class Formwarden {
         needValue(record);
         needValue(view);
         pool.dropDrafts();
-        int made = makers.viewOf(record) < 0 ? NONE : makers.putBack(view);
+        int made = pool.viewOf(record) < 0 ? NONE : pool.putBack(view);
         if (made < 0) {
             throw new UnsupportedOperationException("one is no record, a step does not fit, or it is too deep");
         }
@@ -264,8 +301,8 @@ public final class Formwarden {
         needValue(one);
         needValue(other);
         pool.dropDrafts();
-        int kept = kept(makers.merged(first, one, other));
-        clashes = makers.clashes;
+        int kept = kept(pool.merged(first, one, other));
+        clashes = pool.clashes;
         return kept;
     }
 
@@ -290,7 +327,7 @@ public final class Formwarden {
     }
 
     public int infer() throws IllegalStateException {
-        int found = makers.found(samples, sampleCount);
+        int found = verdicts.found(samples, sampleCount);
         if (found < 0) {
             throw new IllegalStateException("there would be more than 50 schemas");
         }
@@ -311,7 +348,7 @@ public final class Formwarden {
         needSchema(schema);
         long sum = 0;
         for (int other = 0; other < book.count; other++) {
-            sum += search.smallest(schema, other);
+            sum += smallest(schema, other);
         }
         return sum;
     }
@@ -344,8 +381,8 @@ public final class Formwarden {
     public boolean isBorneOut(int schema, int other) throws IndexOutOfBoundsException {
         needSchema(schema);
         needSchema(other);
-        int there = search.smallest(schema, other);
-        int back = search.smallest(other, schema);
+        int there = smallest(schema, other);
+        int back = smallest(other, schema);
         for (int v = 0; v < pool.count; v++) {
             if (!bearsOut(v, schema, other, there) || !bearsOut(v, other, schema, back)) {
                 return false;
@@ -361,6 +398,126 @@ public final class Formwarden {
             return false;
         }
         return !belongs || verdicts.belongs(value, other) || (gapSize > 0 && gapSize <= pool.sizes[value]);
+    }
+
+    /**
+     * The size of the smallest value of a schema and not of another one (-1: of any); 0 if there is none. It is sought by
+     * several ways in turns: up from the leaves (see Climb), and down from the question (see Prover), by depth to see
+     * whether there is one, and by size. Each way knows whether it came to its end.
+     */
+    private int smallest(int schema, int other) {
+        if (!book.has(schema) || schema == other) {
+            return 0;
+        }
+        refresh();
+        int first = plain.stands[schema];
+        int second = other < 0 ? NONE : plain.stands[other];
+        int place = first * (MOST_SCHEMAS + 1) + second + 1;
+        if (answers[place] == UNKNOWN) {
+            int found = Prover.ENDLESS;
+            start(Cone.bit(first), Cone.bit(second));
+            isSure = first == second;
+            for (int i = 0; i < STEPS.length && !isSure && (i < SHORT_STEPS || patience > 0); i++) {
+                int turn = STEPS[i] % TURNS;
+                int way = STEPS[i] - turn;
+                long work = ways.clauses.work;
+                int made = i == 1 ? verdicts.leastSize(schema, other) : 0;
+                found = made > 0 ? Math.min(found, made) : found;
+                if (way == UP) {
+                    found = up(Cone.bit(first), Cone.bit(second), found, turn);
+                } else if (way == ANY_SIZE && found == Prover.ENDLESS && !isThere) {
+                    seeAnySize(Cone.bit(first), Cone.bit(second), turn);
+                } else if (way == DEPTHS && found == Prover.ENDLESS) {
+                    depths.run(LOOKS[turn]);
+                    found = depths.found;
+                    isThere |= found < Prover.ENDLESS;
+                    isSure = depths.lower >= Prover.ENDLESS;
+                } else if (way == SIZES && lower < MOST_SIZE) {
+                    sizes.adopt(depths);
+                    sizes.run(LOOKS[turn]);
+                    found = Math.min(found, sizes.found);
+                    lower = Math.max(lower, Math.min(sizes.lower, MOST_SIZE));
+                    isSure = sizes.lower >= Prover.ENDLESS;
+                }
+                patience -= turn > 1 ? (int) ((ways.clauses.work - work) / LOOKS_A_QUESTION) : 0;
+                // Greater ones all count the same.
+                found = isThere && lower >= MOST_SIZE ? MOST_SIZE : found;
+                isSure |= found <= lower;
+            }
+            // Of what has no small value and very many kinds of great ones there most often is one.
+            boolean isGreat = !isSure && (isThere || lower >= MOST_SIZE);
+            found = found == Prover.ENDLESS && isGreat ? MOST_SIZE : found;
+            answers[place] = (found == Prover.ENDLESS ? 0 : found) | (isSure ? 0 : UNSURE);
+        }
+        int answer = answers[place] & ~UNSURE;
+        if (answer == answers[place]) {
+            return answer;
+        }
+        // A value that was made since can tell more.
+        int size = verdicts.leastSize(schema, other);
+        return answer == 0 ? size : size == 0 ? answer : Math.min(answer, size);
+    }
+
+    /** Gets ready for the schemas as they are. */
+    private void refresh() {
+        if (edition == book.edition && plain.count == book.count) {
+            return;
+        }
+        // A new schema changes nothing for the other ones.
+        if (edition != book.edition) {
+            Arrays.fill(answers, UNKNOWN);
+        }
+        edition = book.edition;
+        plain.becomePlain(book);
+        logic.prepare();
+    }
+
+    /** Starts all ways with a question. */
+    private void start(long must, long mustNot) {
+        climb.forget();
+        depths.start(must, mustNot);
+        sizes.start(must, mustNot);
+        lower = 1;
+        isThere = false;
+    }
+
+    /**
+     * The smallest size found on the way up, or the one known, if none is smaller. If there are too many
+     * kinds of values, some are left out, which may find an answer, though not the smallest one.
+     */
+    private int up(long must, long mustNot, int known, int turn) {
+        long most = PAIRS[turn];
+        climb.allow(ROWS[turn], most);
+        climb.ask(must, mustNot, 1);
+        int size = climb.find(known);
+        int found = climb.isAnySize ? known : Math.min(known, size);
+        long pairs = most - climb.pairs;
+        lower = Math.max(lower, climb.floor);
+        isThere |= size < Prover.ENDLESS;
+        isSure = found <= lower || (climb.isSure && (!climb.isAnySize || size == Prover.ENDLESS));
+        climb.arrange();
+        if (!isSure && found == Prover.ENDLESS && turn > 0) {
+            climb.allow(MOST_ROWS_THIN, PAIRS_THIN);
+            climb.thinOut(ROWS_OF_SIZE);
+            climb.ask(must, mustNot, 1);
+            found = climb.find(found);
+            pairs += PAIRS_THIN - climb.pairs;
+        }
+        patience -= turn > 1 ? (int) (pairs / PAIRS_A_QUESTION) : 0;
+        return found;
+    }
+
+    /** Sees on the way up whether there is an answer of any size at all. */
+    private void seeAnySize(long must, long mustNot, int turn) {
+        if (turn > 1 && climb.isLine()) {
+            return;
+        }
+        climb.allow(ROWS[turn], PAIRS_ANY[turn]);
+        climb.leaveSizes();
+        climb.ask(must, mustNot, 1);
+        isThere = climb.find(Prover.ENDLESS) < Prover.ENDLESS;
+        isSure = climb.isSure && !isThere;
+        patience -= turn > 1 ? (int) ((PAIRS_ANY[turn] - climb.pairs) / PAIRS_A_QUESTION) : 0;
     }
 
     private void needValue(int value) {
@@ -415,14 +572,14 @@ public final class Formwarden {
     }
 
     private void clearRow() {
-        Arrays.fill(row, NONE);
+        Arrays.fill(pool.row, NONE);
     }
 
     /** The number of parts told in the row, or -1 if one stands behind a gap. */
     private int rowLength() {
         int length = 0;
         for (int i = 0; i < MOST_PARTS; i++) {
-            if (row[i] >= 0) {
+            if (pool.row[i] >= 0) {
                 if (length < i) {
                     return NONE;
                 }
@@ -433,8 +590,8 @@ public final class Formwarden {
     }
 
     /**
-     * The values, and drafts of values behind them: a call that may fail late works on drafts,
-     * and keeps those that its answer has only when nothing can go wrong any more.
+     * The values, and what is made of them by the lens and by merging. Behind them stand drafts of values: a call that may
+     * fail late works on drafts, and keeps those that its answer has only when nothing can go wrong any more.
      */
     private static final class Values {
         private static final int DRAFTS = 400;
@@ -448,9 +605,21 @@ public final class Formwarden {
         private final int[] places = new int[ROOM];
         private final int[] fresh = new int[DRAFTS];
         private final int[] work = new int[MOST_PARTS];
+        /** The parts of a value that is asked for. */
+        final int[] row = new int[MOST_PARTS];
         int count;
         private int drafts;
         private int freshCount;
+        /** The steps of the lens, and what they were done to. */
+        private final char[] stepKinds = new char[MOST_STEPS];
+        private final int[] stepFirsts = new int[MOST_STEPS];
+        private final int[] stepSeconds = new int[MOST_STEPS];
+        private final int[] trail = new int[MOST_STEPS + 1];
+        private final int[] alone = {NONE, NONE, NONE, NONE};
+        /** What is merged of the parts, for each depth. */
+        private final int[] rows = new int[(MOST_DEPTH + 1) * MOST_PARTS];
+        int stepCount;
+        int clashes;
 
         boolean has(int value) {
             return value >= 0 && value < count;
@@ -591,6 +760,183 @@ public final class Formwarden {
                 parts[place * MOST_PARTS + i] = part >= MOST_VALUES ? places[part] : part;
             }
             count++;
+        }
+
+        /** Whether there is such a step, its label a being one. */
+        static boolean takes(char kind, int a, int b) {
+            switch (kind) {
+                case 'r':
+                case 'n':
+                    return isLabel(b) && a != b;
+                case 's':
+                    return b >= 0 && b <= 9;
+                case 'a':
+                case 'd':
+                case 'w':
+                    return true;
+                default:
+                    return false;
+            }
+        }
+
+        /** The number of steps with this one, or -1 if there is no room. */
+        int addStep(char kind, int a, int b) {
+            if (stepCount >= MOST_STEPS) {
+                return NONE;
+            }
+            stepKinds[stepCount] = kind;
+            stepFirsts[stepCount] = a;
+            stepSeconds[stepCount] = b;
+            stepCount++;
+            return stepCount;
+        }
+
+        /** The view, or -1 if a step does not fit. */
+        int viewOf(int record) {
+            trail[0] = isRecord(record) ? record : NONE;
+            for (int i = 0; i < stepCount; i++) {
+                trail[i + 1] = isRecord(trail[i]) ? done(i, trail[i]) : NONE;
+            }
+            return trail[stepCount];
+        }
+
+        /** The record that has this view, or -1 if a step does not fit, after a view was got from the old one. */
+        int putBack(int view) {
+            int now = view;
+            for (int i = stepCount - 1; i >= 0; i--) {
+                now = isRecord(now) ? undone(i, now) : NONE;
+            }
+            return isRecord(now) ? now : NONE;
+        }
+
+        private int done(int step, int record) {
+            int a = stepFirsts[step];
+            int b = stepSeconds[step];
+            int there = at(record, a);
+            switch (stepKinds[step]) {
+                case 'r':
+                    return renamed(record, a, b);
+                case 'd':
+                    return labelled(record, a, NONE);
+                case 'a':
+                    return there >= 0 ? NONE : labelled(record, a, b);
+                case 'n':
+                    return putIn(record, a, b);
+                case 'w':
+                    return there < 0 ? record : labelled(record, a, listOf(there));
+                default:
+                    return swapped(record, a, b);
+            }
+        }
+
+        private int undone(int step, int record) {
+            int a = stepFirsts[step];
+            int b = stepSeconds[step];
+            int there = at(record, a);
+            switch (stepKinds[step]) {
+                case 'r':
+                    return renamed(record, b, a);
+                case 'd':
+                    return there >= 0 ? NONE : labelled(record, a, at(trail[step], a));
+                case 'a':
+                    return there == b ? labelled(record, a, NONE) : NONE;
+                case 'n':
+                    return takenOut(record, a, b);
+                case 'w':
+                    return there < 0 ? record : unlisted(record, a, there);
+                default:
+                    return swapped(record, a, b);
+            }
+        }
+
+        private int renamed(int record, int from, int to) {
+            if (at(record, to) >= 0) {
+                return NONE;
+            }
+            int there = at(record, from);
+            return there < 0 ? record : labelled(labelled(record, from, NONE), to, there);
+        }
+
+        private int putIn(int record, int a, int b) {
+            int inner = at(record, b);
+            if (!isRecord(inner) || at(inner, a) >= 0) {
+                return NONE;
+            }
+            int there = at(record, a);
+            if (there < 0) {
+                return record;
+            }
+            int fuller = labelled(inner, a, there);
+            return fuller < 0 ? NONE : labelled(labelled(record, a, NONE), b, fuller);
+        }
+
+        private int takenOut(int record, int a, int b) {
+            int inner = at(record, b);
+            if (!isRecord(inner) || at(record, a) >= 0) {
+                return NONE;
+            }
+            int there = at(inner, a);
+            if (there < 0) {
+                return record;
+            }
+            int emptier = labelled(inner, a, NONE);
+            return labelled(labelled(record, b, emptier), a, there);
+        }
+
+        /** A list of one part, or -1 if that is too deep. */
+        private int listOf(int part) {
+            alone[0] = part;
+            return draft('l', 1, alone, 0);
+        }
+
+        private int unlisted(int record, int label, int there) {
+            boolean fits = isList(there) && numbers[there] == 1;
+            return fits ? labelled(record, label, at(there, 0)) : NONE;
+        }
+
+        private int swapped(int record, int label, int symbol) {
+            int there = at(record, label);
+            if (there < 0 || kinds[there] != 's') {
+                return record;
+            }
+            int before = numbers[there];
+            if (before != symbol && before != 9 - symbol) {
+                return record;
+            }
+            alone[0] = NONE;
+            return labelled(record, label, draft('s', 9 - before, alone, 0));
+        }
+
+        /** What is merged of two values that came from a first one. */
+        int merged(int first, int one, int other) {
+            clashes = 0;
+            return mergedAt(first, one, other, 0);
+        }
+
+        /** What is merged, where -1 is nothing there. */
+        private int mergedAt(int first, int one, int other, int depth) {
+            if (one == other || first == other) {
+                return one;
+            }
+            if (first == one) {
+                return other;
+            }
+            boolean records = isRecord(first) && isRecord(one) && isRecord(other);
+            if (depth > MOST_DEPTH || !(records || areListsOfOneLength(first, one, other))) {
+                clashes++;
+                return one;
+            }
+            int from = depth * MOST_PARTS;
+            for (int i = 0; i < MOST_PARTS; i++) {
+                rows[from + i] = mergedAt(at(first, i), at(one, i), at(other, i), depth + 1);
+            }
+            char kind = records ? 'o' : 'l';
+            return draft(kind, records ? labelBits(rows, from) : numbers[first], rows, from);
+        }
+
+        private boolean areListsOfOneLength(int first, int one, int other) {
+            return isList(first) && isList(one) && isList(other)
+                    && numbers[first] == numbers[one] && numbers[first] == numbers[other];
         }
     }
 
@@ -1093,8 +1439,9 @@ public final class Formwarden {
     }
 
     /**
-     * Which values are of which schemas, and what they lack, each worked out by its own rules, and once
-     * until a schema changes. Faults can be more than could be listed, so they are counted for each value
+     * What values and schemas have to do with each other: which values are of which schemas, and what they lack, each
+     * worked out by its own rules, and once until a schema changes; and the schemas that are found from samples.
+     * Faults can be more than could be listed, so they are counted for each value
      * and schema, and the one at an index is sought down along the counts. A union asks which of two
      * counts is smaller, so they are kept in full, in digits of 60 bits: '&' can double a count some
      * fifty times on each of six levels.
@@ -1104,6 +1451,8 @@ public final class Formwarden {
         private static final int DIGIT_BITS = 60;
         private static final long MANY = 1L << DIGIT_BITS;
         private static final int MOST_SEEKING = 1000;
+        private static final int LEVELS = MOST_DEPTH + 2;
+        private static final int KINDS = 6;
 
         private final Values pool;
         private final Schemas book;
@@ -1118,6 +1467,10 @@ public final class Formwarden {
         long remembered;
         char letter;
         int path;
+        /** For each level below the samples: the values there, the schemas for labels, and those for kinds. */
+        private final int[] marks = new int[LEVELS * MOST_VALUES];
+        private final int[] itemsFound = new int[LEVELS * LABELS];
+        private final int[] kindsFound = new int[LEVELS * KINDS];
 
         Verdicts(Values pool, Schemas book) {
             this.pool = pool;
@@ -1415,6 +1768,173 @@ public final class Formwarden {
                 left -= here;
             }
             return NONE;
+        }
+
+        /** The schema for the samples, or -1, and nothing made, if there would be too many. */
+        int found(int[] samples, int count) {
+            int before = book.count;
+            Arrays.fill(marks, 0, MOST_VALUES, 0);
+            for (int i = 0; i < count && i < samples.length; i++) {
+                mark(0, samples[i]);
+            }
+            int made = foundAt(0);
+            if (made < 0) {
+                book.cut(before);
+            }
+            return made;
+        }
+
+        private void mark(int level, int value) {
+            if (level >= 0 && level < LEVELS && pool.has(value)) {
+                marks[level * MOST_VALUES + value] = 1;
+            }
+        }
+
+        private boolean isMarked(int level, int value, char kind) {
+            return marks[level * MOST_VALUES + value] == 1 && pool.kinds[value] == kind;
+        }
+
+        private void clearLevel(int level) {
+            Arrays.fill(marks, level * MOST_VALUES, (level + 1) * MOST_VALUES, 0);
+        }
+
+        private int foundAt(int level) {
+            if (level + 1 >= LEVELS) {
+                return NONE;
+            }
+            int made = 0;
+            for (int i = 0; i < KINDS; i++) {
+                char kind = kindAt(i);
+                if (howMany(level, kind) > 0) {
+                    int schema = foundFor(level, kind);
+                    if (schema < 0) {
+                        return NONE;
+                    }
+                    kindsFound[level * KINDS + made] = schema;
+                    made++;
+                }
+            }
+            return made == 0 ? book.add('0', 0, 0, 0) : joinedUp(level, made);
+        }
+
+        private static char kindAt(int index) {
+            switch (index) {
+                case 0:
+                    return 'z';
+                case 1:
+                    return 'b';
+                case 2:
+                    return 'n';
+                case 3:
+                    return 's';
+                case 4:
+                    return 'l';
+                default:
+                    return 'o';
+            }
+        }
+
+        private int howMany(int level, char kind) {
+            int those = 0;
+            for (int v = 0; v < pool.count; v++) {
+                those += isMarked(level, v, kind) ? 1 : 0;
+            }
+            return those;
+        }
+
+        private int joinedUp(int level, int made) {
+            int all = kindsFound[level * KINDS];
+            for (int i = 1; i < made && all >= 0; i++) {
+                all = book.add('u', all, kindsFound[level * KINDS + i], 0);
+            }
+            return all;
+        }
+
+        private int foundFor(int level, char kind) {
+            switch (kind) {
+                case 'n':
+                    return book.add('n', lowest(level, kind), greatest(level, kind), 0);
+                case 's':
+                    return book.add('s', symbolBits(level), 0, 0);
+                case 'l':
+                    return listSchema(level);
+                case 'o':
+                    return recordSchema(level);
+                default:
+                    return book.add(kind, 0, 0, 0);
+            }
+        }
+
+        private int lowest(int level, char kind) {
+            int least = Integer.MAX_VALUE;
+            for (int v = 0; v < pool.count; v++) {
+                least = isMarked(level, v, kind) ? Math.min(least, pool.numbers[v]) : least;
+            }
+            return least;
+        }
+
+        private int greatest(int level, char kind) {
+            int greatest = Integer.MIN_VALUE;
+            for (int v = 0; v < pool.count; v++) {
+                greatest = isMarked(level, v, kind) ? Math.max(greatest, pool.numbers[v]) : greatest;
+            }
+            return greatest;
+        }
+
+        private int symbolBits(int level) {
+            int bits = 0;
+            for (int v = 0; v < pool.count; v++) {
+                bits |= isMarked(level, v, 's') ? 1 << pool.numbers[v] : 0;
+            }
+            return bits;
+        }
+
+        private int listSchema(int level) {
+            clearLevel(level + 1);
+            for (int v = 0; v < pool.count; v++) {
+                for (int i = 0; i < MOST_PARTS && isMarked(level, v, 'l'); i++) {
+                    mark(level + 1, pool.at(v, i));
+                }
+            }
+            int least = lowest(level, 'l');
+            int greatest = greatest(level, 'l');
+            int item = foundAt(level + 1);
+            return item < 0 ? NONE : book.add('l', item, least, greatest);
+        }
+
+        private int recordSchema(int level) {
+            int all = howMany(level, 'o');
+            int musts = 0;
+            for (int label = 0; label < LABELS; label++) {
+                int there = markAt(level, label);
+                int item = there == 0 ? NONE : foundAt(level + 1);
+                if (there > 0 && item < 0) {
+                    return NONE;
+                }
+                itemsFound[level * LABELS + label] = item;
+                musts |= there == all ? 1 << label : 0;
+            }
+            int made = book.add('o', 1, 0, 0);
+            for (int label = 0; label < LABELS && made >= 0; label++) {
+                int item = itemsFound[level * LABELS + label];
+                if (item >= 0) {
+                    book.tell(made, label, item, (musts >> label & 1) == 1);
+                }
+            }
+            return made;
+        }
+
+        /** Marks what is at a label of the marked records, a level below; returns how many have it. */
+        private int markAt(int level, int label) {
+            clearLevel(level + 1);
+            int there = 0;
+            for (int v = 0; v < pool.count; v++) {
+                if (isMarked(level, v, 'o') && pool.at(v, label) >= 0) {
+                    mark(level + 1, pool.at(v, label));
+                    there++;
+                }
+            }
+            return there;
         }
     }
 
@@ -1770,8 +2290,8 @@ public final class Formwarden {
         private final Schemas book;
         private final Cone cone;
         /** The values of size 1, by the schemas that they are of. */
-        private final long[] singles = new long[4 * MOST_SCHEMAS];
-        private int singleCount;
+        final long[] singles = new long[4 * MOST_SCHEMAS];
+        int singleCount;
         /** What follows from being of a schema, and what that bars; then both for not being of it. */
         final long[] follows = new long[4 * MOST_SCHEMAS];
         /** What lists and records that are not empty are never and always of, as it is seen. */
@@ -1949,6 +2469,11 @@ public final class Formwarden {
                 }
             }
             return false;
+        }
+
+        /** All schemas that a list or record is of, from those of its own kind. */
+        long joinedUp(long own) {
+            return cone.joinedUp(own);
         }
 
         /** Whether no list, or no record, but perhaps the empty one is of a schema, by how it is written. */
@@ -2683,14 +3208,12 @@ public final class Formwarden {
      * What each part of an answer must be of and must not be of, by the place where it stands: at a label,
      * or in a list. It is spread from the question down. Of what can be asked at a place all is kept, or of
      * too much two things become what both have in common, so that no part of the smallest answer is left out.
-     * Where nothing can be wanted, nothing is: without it the answer would be smaller. If the answer has to be
-     * small, it counts how far in a thing is asked first, for a value there has so many others round it.
+     * Where nothing can be wanted, nothing is: without it the answer would be smaller.
      */
     private static final class Demands {
         static final int MOST_SPREADS = 1000;
-        /** How many things are asked at a place, if it does not or does count how far in, and where the question itself stands. */
-        private static final int FEW = 8;
-        private static final int MOST = 40;
+        /** How many things are asked at a place, and where the question itself stands. */
+        private static final int MOST = 8;
         private static final int ROOT = PLACES * MOST;
         private static final int MOST_SPLITS = 64;
         private static final int MOST_MORE = 4;
@@ -2702,13 +3225,9 @@ public final class Formwarden {
         /** What else such a part may have to be of, and not to be of. */
         private final long[] mays = new long[ROOT + 1];
         private final long[] mayNots = new long[ROOT + 1];
-        private final int[] depths = new int[ROOT + 1];
         private final boolean[] isFresh = new boolean[ROOT + 1];
         private final int[] counts = new int[PLACES];
         private boolean isPartlessOut;
-        /** Whether it counts how far in things are asked, and how far in the parts are that it asks of now. */
-        private boolean isFine;
-        private int depth;
         private long want;
         private long miss;
         private long may;
@@ -2727,12 +3246,10 @@ public final class Formwarden {
         }
 
         /** Starts with a value, which perhaps is not to be of size 1, that must be of all these and of none of those. */
-        void start(long must, long mustNot, boolean noSingle, boolean countsDepth) {
+        void start(long must, long mustNot, boolean noSingle) {
             Arrays.fill(counts, 0);
             Arrays.fill(isFresh, false);
             isPartlessOut = noSingle;
-            isFine = countsDepth;
-            depths[ROOT] = 0;
             singles = 0;
             wants[ROOT] = must;
             misses[ROOT] = mustNot;
@@ -2751,11 +3268,11 @@ public final class Formwarden {
             fresh = 1;
         }
 
-        /** The thing that was not spread and is the least far in. */
+        /** One of the things that were not spread. */
         private int nextFresh() {
             int next = ROOT;
-            for (int i = 0; i < ROOT; i++) {
-                next = isFresh[i] && (!isFresh[next] || depths[i] < depths[next]) ? i : next;
+            for (int i = ROOT - 1; i >= 0 && !isFresh[ROOT]; i--) {
+                next = isFresh[i] ? i : next;
             }
             return next;
         }
@@ -2770,7 +3287,6 @@ public final class Formwarden {
             int at = nextFresh();
             isFresh[at] = false;
             fresh--;
-            depth = isFine ? depths[at] + 1 : 0;
             for (int place = 0; place < PLACES; place++) {
                 long told = (mays[at] & logic.needing[place]) | (mayNots[at] & logic.minding[place]);
                 // A value that must not be without a part can need one for which nothing else asks.
@@ -2798,7 +3314,6 @@ public final class Formwarden {
         void end() {
             for (int place = 0; place < PLACES && fresh != 0; place++) {
                 counts[place] = 1;
-                depths[place * MOST] = 0;
                 wants[place * MOST] = 0;
                 misses[place * MOST] = 0;
                 helpful = -1L;
@@ -2817,10 +3332,10 @@ public final class Formwarden {
             }
         }
 
-        /** Whether a value of these schemas can stand at a place in an answer, not farther in than this. */
-        boolean serves(int place, long bits, int most) {
+        /** Whether a value of these schemas can stand at a place in an answer. */
+        boolean serves(int place, long bits) {
             for (int i = place * MOST; i < place * MOST + counts[place]; i++) {
-                if (((wants[i] & ~bits) | (misses[i] & bits)) == 0 && depths[i] <= most) {
+                if (((wants[i] & ~bits) | (misses[i] & bits)) == 0) {
                     return true;
                 }
             }
@@ -2839,12 +3354,12 @@ public final class Formwarden {
             return ((wants[ROOT] & ~most) | (misses[ROOT] & least)) == 0;
         }
 
-        /** The schemas of which all values must be that can stand somewhere, not farther in than this, or be the answer. */
-        long needed(int most) {
+        /** The schemas of which all values must be that can stand somewhere or be the answer. */
+        long needed() {
             long needed = wants[ROOT];
             for (int place = 0; place < PLACES; place++) {
                 for (int i = place * MOST; i < place * MOST + counts[place]; i++) {
-                    needed &= depths[i] <= most ? wants[i] : -1L;
+                    needed &= wants[i];
                 }
             }
             return needed;
@@ -2923,15 +3438,14 @@ public final class Formwarden {
             int from = place * MOST;
             int into = from + counts[place];
             for (int i = from; i < into; i++) {
-                boolean isAsked = ((wants[i] & ~wanted) | (misses[i] & ~missed)) == 0 && depths[i] <= depth;
-                boolean asksMore = ((wanted & ~wants[i]) | (missed & ~misses[i])) == 0 && depths[i] >= depth;
+                boolean isAsked = ((wants[i] & ~wanted) | (misses[i] & ~missed)) == 0;
+                boolean asksMore = ((wanted & ~wants[i]) | (missed & ~misses[i])) == 0;
                 if (isAsked || asksMore) {
                     if (!isAsked || ((yes & ~mays[i]) | (no & ~mayNots[i])) != 0) {
                         freshen(i);
                     }
                     wants[i] &= wanted;
                     misses[i] &= missed;
-                    depths[i] = Math.min(depths[i], depth);
                     mays[i] |= yes;
                     mayNots[i] |= no;
                     return;
@@ -2939,12 +3453,11 @@ public final class Formwarden {
             }
             wants[into] = wanted;
             misses[into] = missed;
-            depths[into] = depth;
             mays[into] = yes;
             mayNots[into] = no;
             freshen(into);
             counts[place]++;
-            if (counts[place] == (isFine ? MOST : FEW)) {
+            if (counts[place] == MOST) {
                 mergeTwo(from, into);
                 counts[place]--;
             }
@@ -2967,14 +3480,12 @@ public final class Formwarden {
             }
             wants[one] &= wants[two];
             misses[one] &= misses[two];
-            depths[one] = Math.min(depths[one], depths[two]);
             mays[one] |= mays[two];
             mayNots[one] |= mayNots[two];
             fresh += isFresh[one] ? 0 : 1;
             isFresh[one] = true;
             wants[two] = wants[last];
             misses[two] = misses[last];
-            depths[two] = depths[last];
             mays[two] = mays[last];
             mayNots[two] = mayNots[last];
             // The last one is gone, and its place is free.
@@ -2992,7 +3503,7 @@ public final class Formwarden {
      */
     private static final class Climb {
         private static final int MOST_ROUNDS = 1000000;
-        private static final int ENDLESS = Needs.ENDLESS;
+        private static final int ENDLESS = Prover.ENDLESS;
         private static final int WIDE = 1024;
         private static final int NARROW = 256;
         /** The tables behind those of the labels: what two and three labels have together, parts of lists, and lists of two parts. */
@@ -3035,8 +3546,6 @@ public final class Formwarden {
         private int least;
         private int best;
         private int largest;
-        /** No answer greater than this is of interest, if that is told ahead; then parts of greater ones are left out. */
-        private int limit = ENDLESS;
         /** Whether it is only asked whether there is an answer, or no more than that can be told. */
         boolean isAnySize;
         /** How much may still be spent on joining rows. */
@@ -3069,12 +3578,6 @@ public final class Formwarden {
             room.quota = mostRows;
             pairs = mostPairs;
             isAnySize = false;
-            limit = ENDLESS;
-        }
-
-        /** Tells that parts of answers that are not small enough are left out. */
-        void confine() {
-            limit = 0;
         }
 
         /**
@@ -3118,7 +3621,7 @@ public final class Formwarden {
             best = ENDLESS;
             largest = 0;
             floor = 1;
-            demands.start(ofAll, ofNone, least > 1, limit < ENDLESS);
+            demands.start(ofAll, ofNone, least > 1);
             for (int i = 0; i < Demands.MOST_SPREADS && demands.fresh > 0; i++) {
                 demands.spread();
             }
@@ -3130,8 +3633,6 @@ public final class Formwarden {
 
         /** The smallest size below this of what was asked for. */
         int find(int below) {
-            boolean isConfined = limit < ENDLESS;
-            limit = isConfined ? below - 1 : ENDLESS;
             for (int t = 0; t < PAIRS; t++) {
                 planSum(t, 0);
                 fill(t);
@@ -3142,7 +3643,7 @@ public final class Formwarden {
             int size = 2;
             int line = order[LABELS];
             for (; size < MOST_SIZE && size < below && size <= MOST_PARTS * largest + 1 && goesOn && !isAnySize; size++) {
-                long needed = demands.needed(limit - size);
+                long needed = demands.needed();
                 for (int t = 0; t < INTO.length; t++) {
                     room.need = t == PAIRS ? cone.listsAmong(needed) : cone.recordsAmong(needed);
                     planSum(t, size - 1);
@@ -3159,11 +3660,6 @@ public final class Formwarden {
                 isAnySize |= line >= 0 && tables[line].isLost;
             }
             boolean isEnd = goesOn && !isAnySize && size > MOST_PARTS * largest + 1;
-            if (isConfined) {
-                floor = isEnd && !isThin() ? Math.max(floor, Math.min(below, MOST_SIZE)) : floor;
-                isSure = best < ENDLESS && !isAnySize && !isThin();
-                return isAnySize ? ENDLESS : best;
-            }
             boolean changed = goesOn && !isEnd && (size < below || isAnySize);
             room.need = 0;
             for (int round = 0; round < MOST_ROUNDS && changed && goesOn; round++) {
@@ -3259,10 +3755,10 @@ public final class Formwarden {
                 return false;
             }
             int places = size < least ? -1 : size == 1 ? demands.singles : 0;
-            boolean isPart = (places >> IN_LIST & 1) == 1 || demands.serves(IN_LIST, bits, limit - size);
+            boolean isPart = (places >> IN_LIST & 1) == 1 || demands.serves(IN_LIST, bits);
             boolean isNew = isPart && tables[ONES].insert(cone.asPart(bits));
             for (int label = 0; label < LABELS; label++) {
-                if ((places >> label & 1) == 1 || demands.serves(label, bits, limit - size)) {
+                if ((places >> label & 1) == 1 || demands.serves(label, bits)) {
                     long row = cone.atLabel(bits, label);
                     isNew |= !cone.isNothingAsGood(row, label, tables[LEFT].more, tables[LEFT].fewer) && tables[label].insert(row);
                 }
@@ -3544,1109 +4040,1297 @@ public final class Formwarden {
     }
 
     /**
-     * What values must be of and must not be of, each pair once, with the smallest size found for it and
-     * the size below which it was looked into. On the trail are those to look into, the newest first;
-     * later come once more those that hang on others that were not settled, as long as something changes.
+     * Clauses of literals, and the search for what meets them all. A literal is twice the number of a variable, and
+     * one more for the contrary. Some clauses may fail, but tell what a part then costs; what costs too much in all
+     * is ruled out. What is learned from costs holds for limits up to its tag.
      */
-    private static final class Needs {
+    private static final class Clauses {
         static final int ENDLESS = 1 << 20;
-        /** No list or record that is not empty is smaller. */
-        static final int LEAST_DEEP = 2;
-        private static final int LEAST_ROOM = 64;
-        private static final int MOST_ROOM = 1 << 17;
-        private static final int GROWTH = 64;
-        private static final int IDLE = 0;
-        private static final int LISTED = 1;
-        private static final int BARREN = 2;
-        private static final int COVERED = -2;
-        private static final int MOST_COVERS = 128;
+        static final int NOTHING = -1;
+        /** The most variables, and the literals that always hold and never hold. */
+        static final int MOST = 1536;
+        static final int HOLDS = 0;
+        static final int FAILS = 1;
+        /** The sorts of clauses: those that must hold, and those that were learned; others are told by the part that costs. */
+        static final int KEPT = -1;
+        private static final int LEARNED = -2;
+        /** Of a clause: how many literals, its tag or what it costs, its sort, a link for each of the first two, the literals. */
+        static final int HEAD = 5;
+        private static final int TAG = 1;
+        private static final int SORT = 2;
+        private static final int LINKS = 3;
+        static final int MOST_WORDS = 1 << 20;
+        private static final int[] SIZES = {1 << 14, 1 << 17, MOST_WORDS};
+        /** What is always left of the words, for what is learned next. */
+        private static final int SPARE = 1 << 12;
+        private static final int MOST_LINKS = 1 << 22;
+        /** Of a variable: the level at which it was told, the clause that told it, and when it was last looked at. */
+        private static final int LEVEL = 0;
+        private static final int REASON = 1;
+        static final int SEEN = 2;
+        static final int FACTS = 3;
+        /** What the parts cost, and why, and the total; a part that is there costs 1, a list or record that is not empty 2. */
+        private static final int WHY = MOST_PARTS;
+        private static final int TOTAL = 2 * MOST_PARTS;
+        private static final int START = TOTAL + 2;
+        private static final int IS_THERE = -2;
+        private static final int IS_DEEP = -3;
 
-        long[] yes = new long[LEAST_ROOM];
-        long[] no = new long[LEAST_ROOM];
-        private int[] sizes = new int[LEAST_ROOM];
-        private int[] reaches = new int[LEAST_ROOM];
-        private int[] marks = new int[LEAST_ROOM];
-        private int[] slots = new int[2 * LEAST_ROOM];
-        private int[] trail = new int[LEAST_ROOM];
-        private int[] later = new int[LEAST_ROOM];
-        private int[] tries = new int[LEAST_ROOM];
-        /** Some that no value meets: what asks for more than one of them is not met, either. */
-        private final int[] covers = new int[MOST_COVERS];
-        private int coverCount;
-        private int rowOfLooks;
+        int[] words = new int[SIZES[0]];
+        int top;
+        /** Of each literal: the first clause that watches it; and whether it holds (1) or fails (-1). */
+        private final int[] heads = new int[2 * MOST];
+        final int[] values = new int[2 * MOST];
+        final int[] facts = new int[FACTS * MOST];
+        private final int[] trail = new int[MOST];
         private int count;
-        private int trailCount;
-        private int laterCount;
-        private boolean changed;
-        /** The size from which on nothing is asked for. */
-        private int most;
-        /** Whether what is looked into hangs on something that is not settled. */
-        private boolean isOpen;
-        /** How many more may come in until the next look. */
-        int fresh;
-        /** The one that is looked into, or -1. */
-        int current = NONE;
+        private int next;
+        private final int[] costs = new int[TOTAL + 1];
+        /** For each level: how long the trail was and what the parts cost when it began. */
+        private final int[] starts = new int[START * MOST];
+        int level;
+        /** The first variable that tells that a part is there; behind those of all parts the ones that tell that it is deep. */
+        private int parts;
+        /** Whether the greatest one of the parts counts, and not what they cost together. */
+        private boolean isMax;
+        private int below;
+        private int singles;
+        /** What the tags of all that was told without a choice allow. */
+        private int zeroTag;
+        private int tag;
+        private int pending;
+        private int clock;
+        /** How many clauses were looked at. */
+        long work;
 
-        /** Forgets all that is known. */
-        void clear() {
-            Arrays.fill(slots, 0);
-            count = 0;
-            coverCount = 0;
+        /** Forgets all clauses. */
+        void clear(int firstOfParts, boolean isGreatest) {
+            parts = firstOfParts;
+            isMax = isGreatest;
+            top = 0;
+            singles = NOTHING;
+            Arrays.fill(heads, NOTHING);
+            Arrays.fill(facts, 0);
+            clock = 0;
         }
 
-        /** Starts a row of looks with an empty trail, for sizes below this one, with room for what is asked for. */
-        void start(int reach) {
-            drop();
-            if (count > MOST_ROOM / 2) {
-                clear();
+        /** Whether there is room for more; takes more words if that is needed. */
+        boolean hasRoom() {
+            for (int i = 1; i < SIZES.length && top + 2 * SPARE > words.length; i++) {
+                if (words.length < SIZES[i]) {
+                    words = Arrays.copyOf(words, SIZES[i]);
+                }
             }
-            rowOfLooks++;
-            most = reach;
-            fresh = hasRoom(1) ? 1 : 0;
+            return top + 2 * SPARE <= words.length;
         }
 
-        /** Whether any size does, for it is only asked whether there is one. */
-        boolean isProof() {
-            return most == ENDLESS;
+        /** Starts a clause. */
+        void open() {
+            words[top] = 0;
         }
 
-        /** Takes off the lists what was not looked into to the end. */
-        void drop() {
-            for (int i = 0; i < trailCount; i++) {
-                forget(trail[i]);
+        /** Adds a literal to the clause that was started; one that holds whatever is chosen is left out later. */
+        void add(int literal) {
+            int length = words[top];
+            boolean isVoid = length < 0 || literal == HOLDS;
+            boolean isKnown = literal == FAILS;
+            for (int i = 0; i < length; i++) {
+                isVoid |= words[top + HEAD + i] == (literal ^ 1);
+                isKnown |= words[top + HEAD + i] == literal;
             }
-            for (int i = 0; i < laterCount; i++) {
-                forget(later[i]);
+            words[top] = isVoid ? NOTHING : isKnown ? length : length + 1;
+            if (!isVoid && !isKnown) {
+                words[top + HEAD + length] = literal;
             }
-            trailCount = 0;
-            laterCount = 0;
-            changed = false;
-            current = NONE;
-            fresh = 0;
         }
 
-        private void forget(int place) {
-            marks[place] = IDLE;
-            reaches[place] = 0;
+        /** Ends the clause that was started; returns its place, or -1 if it always holds. */
+        int close(int toldTag, int sort) {
+            int ref = top;
+            int length = words[ref];
+            if (length < 0) {
+                return NOTHING;
+            }
+            words[ref + TAG] = toldTag;
+            words[ref + SORT] = sort;
+            top += HEAD + length;
+            for (int side = 0; side < 2 && length > 1; side++) {
+                int literal = words[ref + HEAD + side];
+                words[ref + LINKS + side] = heads[literal];
+                heads[literal] = 2 * ref + side;
+            }
+            if (length == 1) {
+                words[ref + LINKS] = singles;
+                singles = ref;
+            }
+            return ref;
         }
 
-        boolean isBusy() {
-            return trailCount + laterCount > 0;
-        }
-
-        private boolean hasRoom(int more) {
-            if (count + more <= yes.length) {
-                return true;
-            }
-            int room = Math.min(GROWTH * yes.length, MOST_ROOM);
-            if (count + more > room) {
-                return false;
-            }
-            yes = Arrays.copyOf(yes, room);
-            no = Arrays.copyOf(no, room);
-            sizes = Arrays.copyOf(sizes, room);
-            reaches = Arrays.copyOf(reaches, room);
-            marks = Arrays.copyOf(marks, room);
-            trail = Arrays.copyOf(trail, room);
-            later = Arrays.copyOf(later, room);
-            tries = Arrays.copyOf(tries, room);
-            slots = new int[2 * room];
+        /** Starts a search for what costs less than this in all; false if that fails at once. */
+        boolean start(int limit) {
             for (int i = 0; i < count; i++) {
-                slots[slotOf(yes[i], no[i])] = i + 1;
+                values[trail[i]] = 0;
+                values[trail[i] ^ 1] = 0;
+            }
+            count = 0;
+            next = 0;
+            level = 0;
+            below = limit;
+            zeroTag = ENDLESS;
+            Arrays.fill(costs, 0);
+            costs[TOTAL] = 1;
+            assign(HOLDS, NOTHING);
+            for (int ref = singles; ref >= 0; ref = words[ref + LINKS]) {
+                int literal = words[ref + HEAD];
+                if (words[ref + TAG] >= below && words[ref + SORT] < 0) {
+                    if (values[literal] < 0) {
+                        return false;
+                    }
+                    assign(literal, ref);
+                }
             }
             return true;
         }
 
-        private int slotOf(long must, long mustNot) {
-            long mixed = (must * 0x9E3779B97F4A7C15L ^ mustNot) * 0xC2B2AE3D27D4EB4FL;
-            int mask = slots.length - 1;
-            int slot = (int) (mixed >>> 32) & mask;
-            for (int i = 0; i < slots.length && slots[slot] > 0; i++) {
-                int there = slots[slot] - 1;
-                if (yes[there] == must && no[there] == mustNot) {
-                    return slot;
-                }
-                slot = (slot + 1) & mask;
+        /** Chooses that a literal holds, if that is not known. */
+        void choose(int literal) {
+            starts[START * level] = count;
+            System.arraycopy(costs, 0, starts, START * level + 1, TOTAL + 1);
+            level++;
+            if (values[literal] == 0) {
+                assign(literal, NOTHING);
             }
-            return slot;
+        }
+
+        private void assign(int literal, int reason) {
+            if (values[literal] != 0) {
+                return;
+            }
+            int at = FACTS * (literal >> 1);
+            values[literal] = 1;
+            values[literal ^ 1] = -1;
+            facts[at + LEVEL] = level;
+            facts[at + REASON] = reason;
+            trail[count] = literal;
+            count++;
+            if (level == 0 && reason >= 0) {
+                zeroTag = Math.min(zeroTag, words[reason + TAG] + (words[reason + SORT] >= 0 ? 1 : 0));
+            }
+        }
+
+        /** Goes back to where a level had not gone on. */
+        private void goBack(int to) {
+            int kept = starts[START * to];
+            for (int i = kept; i < count; i++) {
+                values[trail[i]] = 0;
+                values[trail[i] ^ 1] = 0;
+            }
+            System.arraycopy(starts, START * to + 1, costs, 0, TOTAL + 1);
+            count = kept;
+            next = kept;
+            level = to;
+        }
+
+        /** Draws all that follows; returns a clause that fails, or -1. */
+        int draw() {
+            for (int i = 0; i < MOST && next < count; i++) {
+                int told = trail[next];
+                int failed = told ^ 1;
+                int part = (told >> 1) - parts;
+                next++;
+                boolean isPart = (told & 1) == 0 && part >= 0 && part < 2 * MOST_PARTS;
+                if (isPart && isTooMuch(part % MOST_PARTS, part < MOST_PARTS ? 1 : 2, part < MOST_PARTS ? IS_THERE : IS_DEEP)) {
+                    return explained(NOTHING);
+                }
+                int before = NOTHING;
+                int link = heads[failed];
+                for (int n = 0; n < MOST_LINKS && link >= 0; n++) {
+                    work++;
+                    int ref = link >> 1;
+                    int here = ref + LINKS + (link & 1);
+                    int following = words[here];
+                    int other = words[ref + HEAD + 1 - (link & 1)];
+                    int cost = words[ref + TAG];
+                    int sort = words[ref + SORT];
+                    boolean isOff = values[other] > 0 || (sort < 0 ? cost < below : isMax && 1 + cost < below);
+                    int free = isOff ? NOTHING : freeOf(ref);
+                    if (free >= 0) {
+                        // Another literal is watched from now on.
+                        int literal = words[free];
+                        words[free] = failed;
+                        words[ref + HEAD + (link & 1)] = literal;
+                        words[here] = heads[literal];
+                        heads[literal] = link;
+                        if (before < 0) {
+                            heads[failed] = following;
+                        } else {
+                            words[before] = following;
+                        }
+                    } else {
+                        before = here;
+                        boolean fails = values[other] < 0 && !isOff;
+                        if (fails && (sort < 0 || isTooMuch(sort, cost, ref))) {
+                            return sort < 0 ? ref : explained(NOTHING);
+                        }
+                        if (!isOff && !fails && (sort < 0 || 1 + cost >= below)) {
+                            assign(other, ref);
+                        } else if (!isOff && !fails && !isMax && costs[sort] < cost && costs[TOTAL] - costs[sort] + cost >= below
+                                && top + 2 * SPARE <= words.length) {
+                            assign(other, explained(ref));
+                        }
+                    }
+                    link = following;
+                }
+            }
+            return NOTHING;
+        }
+
+        /** Where a literal stands that does not fail and is not watched, or -1. */
+        private int freeOf(int ref) {
+            int end = ref + HEAD + words[ref];
+            for (int i = ref + HEAD + 2; i < end; i++) {
+                if (values[words[i]] >= 0) {
+                    return i;
+                }
+            }
+            return NOTHING;
+        }
+
+        /** Notes what a part costs at least; returns whether all costs too much then. */
+        private boolean isTooMuch(int part, int cost, int why) {
+            if (cost <= costs[part]) {
+                return false;
+            }
+            costs[TOTAL] = isMax ? Math.max(costs[TOTAL], 1 + cost) : costs[TOTAL] + cost - costs[part];
+            costs[part] = cost;
+            costs[WHY + part] = why;
+            return costs[TOTAL] >= below;
         }
 
         /**
-         * The place of a pair, which may be new, or -1 if no more may come in now, or -2 if no value meets
-         * it, as is seen from all that follows from it.
+         * A clause that tells why all costs too much, or would if the last literal failed of one that tells of a cost. Of
+         * what the other parts cost it tells no more than is needed.
          */
-        int placeOf(long must, long mustNot, long followsYes, long followsNo) {
-            int slot = slotOf(must, mustNot);
-            if (slots[slot] > 0) {
-                return slots[slot] - 1;
+        private int explained(int ref) {
+            int made = top;
+            int part = ref < 0 ? NOTHING : words[ref + SORT];
+            int sum = ref < 0 ? costs[TOTAL] : costs[TOTAL] - costs[part] + words[ref + TAG];
+            words[made] = 0;
+            for (int i = 0; ref >= 0 && i < words[ref]; i++) {
+                words[made + HEAD + i] = words[ref + HEAD + i];
+                words[made]++;
             }
-            for (int i = 0; i < MOST_COVERS && i < coverCount; i++) {
-                int cover = covers[i];
-                if (((yes[cover] & ~followsYes) | (no[cover] & ~followsNo)) == 0) {
-                    return COVERED;
+            for (int i = 0; i < MOST_PARTS; i++) {
+                boolean isEnough = isMax ? 1 + costs[i] < below : sum - costs[i] >= below;
+                int why = costs[WHY + i];
+                if (i == part || costs[i] == 0 || isEnough) {
+                    sum -= i == part || isMax ? 0 : costs[i];
+                    continue;
+                }
+                boolean isThere = values[2 * (parts + i)] > 0 && !isMax && sum - costs[i] + 1 >= below;
+                boolean isDeep = costs[i] > 2 && !isMax && sum - costs[i] + 2 >= below;
+                if (isThere || isDeep || why < 0) {
+                    boolean tellsThere = isThere || (!isDeep && why == IS_THERE);
+                    sum -= isThere ? costs[i] - 1 : isDeep ? costs[i] - 2 : 0;
+                    words[made + HEAD + words[made]] = 2 * (parts + i + (tellsThere ? 0 : MOST_PARTS)) + 1;
+                    words[made]++;
+                } else {
+                    System.arraycopy(words, why + HEAD, words, made + HEAD + words[made], words[why]);
+                    words[made] += words[why];
+                }
+                if (isMax) {
+                    sum = 1 + costs[i];
+                    break;
                 }
             }
-            if (fresh <= 0 || count >= yes.length) {
-                return NONE;
-            }
-            int made = count;
-            yes[made] = must;
-            no[made] = mustNot;
-            sizes[made] = ENDLESS;
-            reaches[made] = 0;
-            marks[made] = IDLE;
-            tries[made] = 0;
-            count++;
-            slots[slot] = count;
+            words[made + TAG] = sum;
+            words[made + SORT] = LEARNED;
+            top += HEAD + words[made];
             return made;
         }
 
-        /** The smallest size known at a place; if there may be a smaller one below the limit, it comes on the trail. */
-        int sizeAt(int place, int limit) {
-            if (place == COVERED) {
-                return ENDLESS;
-            }
-            if (place < 0) {
-                isOpen = true;
-                return ENDLESS;
-            }
-            // A value is greater than its parts, so that asking for itself makes none that is smaller.
-            if (place == current || marks[place] == BARREN) {
-                return ENDLESS;
-            }
-            int known = sizes[place];
-            if (isEnough(known)) {
-                return known;
-            }
-            if (marks[place] == LISTED) {
-                isOpen = true;
-                changed |= limit > reaches[place];
-                reaches[place] = limit > reaches[place] ? raised(place, limit) : reaches[place];
-                return known;
-            }
-            if (!isProof() && (known <= reaches[place] || limit <= reaches[place])) {
-                return known < limit ? known : ENDLESS;
-            }
-            isOpen = true;
-            if (fresh > 0) {
-                fresh--;
-                marks[place] = LISTED;
-                reaches[place] = raised(place, limit);
-                trail[trailCount] = place;
-                trailCount++;
-            }
-            return known;
-        }
-
-        /** What was looked into ahead, and not far enough, is looked into twice as far. */
-        private int raised(int place, int limit) {
-            return Math.min(most, Math.max(limit, 2 * reaches[place]));
-        }
-
-        /** Goes to the next one to look into, with room for so many new ones; false if there is none, or no room. */
-        boolean goesOn(int more) {
-            if (trailCount == 0 && isProof() && current >= 0 && sizes[current] < ENDLESS) {
-                // The last one is the question itself, and there is one.
-                drop();
-            }
-            if (trailCount == 0) {
-                goBack();
-            }
-            boolean goes = trailCount > 0 && hasRoom(more);
-            current = goes ? trail[trailCount - 1] : NONE;
-            fresh = goes ? more : 0;
-            isOpen = false;
-            return goes;
-        }
-
-        /** Takes up again those that hang on others, or settles them, if nothing changed meanwhile. */
-        private void goBack() {
-            for (int i = laterCount - 1; i >= 0; i--) {
-                if (changed) {
-                    trail[trailCount] = later[i];
-                    trailCount++;
-                } else {
-                    settle(later[i]);
+        /** Learns from a clause that failed, and goes back to where that tells something. */
+        void learn(int failed) {
+            int made = top;
+            startLook(failed);
+            int at = count;
+            for (int i = 0; i < MOST && pending > 0 && at > 0; i++) {
+                at--;
+                int fact = FACTS * (trail[at] >> 1);
+                if (facts[fact + SEEN] == clock) {
+                    pending--;
+                    if (pending > 0) {
+                        look(facts[fact + REASON]);
+                    }
                 }
             }
-            laterCount = 0;
-            changed = false;
+            at = Math.max(0, Math.min(at, count - 1));
+            words[made + HEAD] = trail[at] ^ 1;
+            int back = 0;
+            int place = 1;
+            for (int i = 1; i < words[made]; i++) {
+                int there = facts[FACTS * (words[made + HEAD + i] >> 1) + LEVEL];
+                place = there > back ? i : place;
+                back = Math.max(back, there);
+            }
+            if (words[made] > 1) {
+                int literal = words[made + HEAD + place];
+                words[made + HEAD + place] = words[made + HEAD + 1];
+                words[made + HEAD + 1] = literal;
+            }
+            goBack(back);
+            close(tag, LEARNED);
+            assign(words[made + HEAD], made);
         }
 
-        private void settle(int place) {
-            boolean isBarren = most == ENDLESS && sizes[place] == ENDLESS;
-            marks[place] = isBarren ? BARREN : IDLE;
-            reaches[place] = most == ENDLESS ? 0 : reaches[place];
-            if (isBarren) {
-                covers[coverCount % MOST_COVERS] = place;
-                coverCount++;
+        private void startLook(int failed) {
+            clock++;
+            tag = ENDLESS;
+            pending = 0;
+            // The first literal comes last.
+            words[top] = 1;
+            look(failed);
+        }
+
+        /** Looks at the literals of a clause; those of levels ahead come to what is learned. */
+        private void look(int ref) {
+            tag = Math.min(tag, words[ref + TAG] + (words[ref + SORT] >= 0 ? 1 : 0));
+            for (int i = 0; i < words[ref]; i++) {
+                int literal = words[ref + HEAD + i];
+                int fact = FACTS * (literal >> 1);
+                if (facts[fact + LEVEL] == 0) {
+                    tag = Math.min(tag, zeroTag);
+                } else if (facts[fact + SEEN] != clock) {
+                    facts[fact + SEEN] = clock;
+                    if (facts[fact + LEVEL] == level) {
+                        pending++;
+                    } else {
+                        words[top + HEAD + words[top]] = literal;
+                        words[top]++;
+                    }
+                }
             }
         }
 
-        /** Whether the current one was not tried otherwise in this row of looks; asking counts as trying. */
-        boolean isUntried() {
-            boolean untried = current >= 0 && tries[current] != rowOfLooks;
-            if (untried) {
-                tries[current] = rowOfLooks;
-            }
-            return untried;
-        }
-
-        /** The size below which a smaller one than is known of the current one is of interest. */
-        int reach() {
-            return current < 0 ? 0 : Math.min(sizes[current], reaches[current]);
-        }
-
-        void lower(int size) {
-            if (current >= 0 && size < reach()) {
-                sizes[current] = size;
-                changed = true;
-            }
-        }
-
-        /** Whether a size needs no look for a smaller one. */
-        boolean isEnough(int size) {
-            return size <= LEAST_DEEP || (most == ENDLESS && size < ENDLESS);
-        }
-
-        /**
-         * Puts the current one away, unless something came in that has to be looked into ahead of it. If
-         * its size is enough, what came in for it goes again.
-         */
-        void done(int size) {
-            boolean isEnough = isEnough(size);
-            for (int i = trailCount - 1; i >= 0 && isEnough && trail[i] != current; i--) {
-                forget(trail[i]);
-                trailCount--;
-            }
-            if (trailCount == 0 || trail[trailCount - 1] != current) {
-                return;
-            }
-            trailCount--;
-            if (isEnough || !isOpen) {
-                settle(current);
+        /** Looks for the choices that led to a clause that failed, or, if that is -1, to a literal that fails. */
+        void blame(int failed, int literal) {
+            if (failed >= 0) {
+                startLook(failed);
             } else {
-                later[laterCount] = current;
-                laterCount++;
+                clock++;
+                facts[FACTS * (literal >> 1) + SEEN] = clock;
             }
+            words[top] = 0;
+            for (int i = count - 1; i >= 0; i--) {
+                int fact = FACTS * (trail[i] >> 1);
+                if (facts[fact + SEEN] == clock && facts[fact + LEVEL] > 0 && facts[fact + REASON] >= 0) {
+                    look(facts[fact + REASON]);
+                    words[top] = 0;
+                }
+            }
+        }
+
+        /** Whether a literal was chosen and is to blame. */
+        boolean isBlamed(int literal) {
+            int fact = FACTS * (literal >> 1);
+            return facts[fact + SEEN] == clock && facts[fact + REASON] < 0;
         }
     }
 
     /**
-     * Finds the smallest value of one schema that is not of another one, by two ways in turns: up from the
-     * leaves (see Climb), and down from the question: what a value must and must not be of is split until
-     * lists and records alone are left, and these ask the same of their parts. Each way is sure of its
-     * answer if it came to its end. On the way down a value of size 1 is looked for first, so all else is
-     * about lists and records that are not empty, and what is asked of a part is tried up from the leaves, too.
+     * Whether a list or a record that is not empty can be as is asked for, and what its parts then have to be, told in
+     * clauses. A variable for each schema tells of the value itself, and so does one for each part; behind them stands
+     * whether the value is a list, which parts are there, which of them are deep (neither empty nor of size 1 otherwise),
+     * which of those are lists, which schemas a part is told to lack, and which values of size 1 parts are.
      */
-    private static final class Search {
-        /**
-         * Three turns each: up, down, up to sizes that rise, and up for any size; and in which order they are
-         * taken: those that take less time first.
-         */
-        private static final int TURNS = 3;
-        private static final int[] STEPS = {0, 3, 1, 10, 7, 8, 4, 11, 2, 5};
-        private static final int SHORT_STEPS = 3;
-        private static final int[] ROWS = {512, 1 << 20, 1 << 26};
-        private static final long[] PAIRS = {3200000, 240000000, 6000000000L};
-        private static final int[] ASKED = {50000, 700000, 1500000};
-        /** The same on the way to sizes that rise, for any size, and where some rows are left out. */
-        private static final long[] PAIRS_CONFINED = {0, 80000000, 2400000000L};
-        private static final long[] PAIRS_ANY = {0, 80000000, 6000000000L};
-        private static final int MOST_ROWS_THIN = 8192;
-        private static final long PAIRS_THIN = 80000000;
-        private static final long[] PART_PAIRS = {3200000, 80000000, 960000000};
-        /** How much of the time for all parts one of them may take. */
-        private static final int SHARE = 64;
-        private static final int ROWS_OF_SIZE = 200;
-        /** How many questions the turns that are not short may ask in all, and what pairs of rows count as one question. */
-        private static final int PATIENCE = 60000000;
-        private static final int PAIRS_A_QUESTION = 1024;
-        private static final int FRESH = 32;
-        private static final int FRESH_PROOF = 8;
-        private static final int REACHES = 8;
-        private static final int LEAST_REACH = 4;
-        private static final int MOST_LOOKS = 100000000;
-        private static final int MOST_SPLITS = 1000000;
-        private static final int[] SHAPES = {1, 2, 4, 8, 3, 5, 6, 9, 10, 12, 7, 11, 13, 14, 15};
-        private static final int[] LENGTHS = {1, 3, 7, 15};
-        private static final int UNKNOWN = -1;
-        private static final int UNSURE = 1 << 16;
+    private static final class Ways {
+        private static final int BLOCKS = MOST_PARTS + 1;
+        private static final int THERE = 1;
+        private static final int DEEP = THERE + MOST_PARTS;
+        private static final int DEEP_LIST = DEEP + MOST_PARTS;
+        private static final int LACKING = DEEP_LIST + MOST_PARTS;
+        private static final int MOST_CODES = 2 * MOST_SCHEMAS + 2;
+        private static final int MOST_STEPS = 10000000;
+        private static final int NOT = 64;
 
-        private final Schemas told;
-        private final Verdicts verdicts;
-        /** What is told, in its plain form. */
-        private final Schemas book = new Schemas();
+        private final Schemas book;
         private final Logic logic;
-        private final Climb climb;
-        private final Needs needs = new Needs();
-        /** For each part: of what it must be, of what not, and of what others see to that it is not. */
-        private final long[] wants = new long[MOST_PARTS];
-        private final long[] misses = new long[MOST_PARTS];
-        private final long[] barred = new long[MOST_PARTS];
-        private final int[] costs = new int[MOST_PARTS];
-        private final int[] twins = new int[MOST_PARTS];
-        private final int[] answers = new int[MOST_SCHEMAS * (MOST_SCHEMAS + 1)];
-        private int edition = UNKNOWN;
-        /** Of many hard questions the later ones get less time, so that a run comes to its end. */
-        private int patience = PATIENCE;
-        /** No answer is smaller than this. */
-        private int lower;
-        private int best;
-        private int left;
-        /** Whether there is an answer, perhaps of a size that is not known. */
-        private boolean isThere;
-        private boolean isSure;
+        final Clauses clauses = new Clauses();
+        /** For each schema the literal that tells that the value is of it; and the schemas that have variables. */
+        private final int[] codes = new int[MOST_SCHEMAS];
+        private final int[] schemas = new int[MOST_SCHEMAS + 1];
+        private int width;
+        /** The values of size 1 that these schemas tell apart. */
+        private final int[] singles = new int[4 * MOST_SCHEMAS];
+        private int singleCount;
+        /** For each place of a part, the schemas that matter there. */
+        private final long[] around = new long[MOST_PARTS];
+        /** For each literal of the value, the clause that tells on which others it hangs, or -1. */
+        private final int[] grounds = new int[MOST_CODES];
+        /** The schemas that are asked for, those that it must not be of with a mark. */
+        private final int[] asked = new int[MOST_CODES];
+        private int askedCount;
+        /** What is still to be looked at, and what was. */
+        private final int[] open = new int[MOST_CODES];
+        private int openCount;
+        private final long[] marks = new long[2];
+        /** What each part must be of, and behind that what each must not be of; and the parts that are there, as bits. */
+        final long[] needs = new long[2 * MOST_PARTS];
+        int there;
+        /** What of what was asked for is too much, as far as it is seen. */
+        long coreYes;
+        long coreNo;
+        /** Whether it took too long to tell. */
+        boolean isUnsure;
 
-        Search(Schemas told, Verdicts verdicts) {
-            this.told = told;
-            this.verdicts = verdicts;
-            logic = new Logic(book);
-            climb = new Climb(book, logic);
+        Ways(Schemas book, Logic logic) {
+            this.book = book;
+            this.logic = logic;
         }
 
-        /** The size of the smallest value of a schema and not of another one (-1: of any); 0 if there is none. */
-        int smallest(int schema, int other) {
-            if (!told.has(schema) || schema == other) {
-                return 0;
+        /** Tells anew of some schemas; all that tell of what they are made of have to be among them. */
+        void build(long cone, boolean isGreatest) {
+            width = 0;
+            for (int i = 0; i < book.count; i++) {
+                int s = book.order[i];
+                codes[s] = Cone.holds(cone, s) ? codeOf(s) : Clauses.HOLDS;
             }
-            refresh();
-            int first = book.stands[schema];
-            int second = other < 0 ? NONE : book.stands[other];
-            int place = first * (MOST_SCHEMAS + 1) + second + 1;
-            if (answers[place] == UNKNOWN) {
-                long must = Cone.bit(first);
-                long mustNot = Cone.bit(second);
-                int found = Needs.ENDLESS;
-                climb.forget();
-                lower = 1;
-                isThere = false;
-                isSure = first == second;
-                for (int i = 0; i < STEPS.length && !isSure && (i < SHORT_STEPS || patience > 0); i++) {
-                    int turn = STEPS[i] % TURNS;
-                    int made = turn == 1 ? verdicts.leastSize(schema, other) : 0;
-                    found = made > 0 ? Math.min(found, made) : found;
-                    int way = STEPS[i] / TURNS;
-                    found = way == 0 ? up(must, mustNot, found, turn) : way == 1 ? down(must, mustNot, found, turn)
-                            : way == 2 ? confined(must, mustNot, found, turn) : anySize(must, mustNot, found, turn);
-                    // Greater ones all count the same.
-                    found = isThere && lower >= MOST_SIZE ? MOST_SIZE : found;
-                    isSure |= found <= lower;
+            gatherAround(cone);
+            gatherSingles(cone);
+            Arrays.fill(grounds, NONE);
+            clauses.clear(1 + BLOCKS * width + THERE, isGreatest);
+            clauses.open();
+            for (int i = 0; i < MOST_PARTS; i++) {
+                clauses.add(other(THERE + i));
+            }
+            clauses.close(Clauses.ENDLESS, Clauses.KEPT);
+            for (int i = 1; i < MOST_PARTS; i++) {
+                tell(other(0) ^ 1, other(THERE + i) ^ 1, other(THERE + i - 1));
+            }
+            for (int j = 1; j <= width; j++) {
+                tellNode(schemas[j], 2 * j);
+            }
+            for (int i = 0; i < MOST_PARTS; i++) {
+                tellPart(i);
+                tellSingles(i);
+            }
+            tellOrder();
+        }
+
+        /** A name comes to the same as what it is bound to, and a contrary to what it is the contrary of. */
+        private int codeOf(int s) {
+            if (Cone.holds(book.always | book.never, s)) {
+                return Cone.holds(book.always, s) ? Clauses.HOLDS : Clauses.FAILS;
+            }
+            switch (book.kinds[s]) {
+                case '!':
+                    return codes[book.firsts[s]] ^ 1;
+                case 'r':
+                    return codes[book.bound[book.firsts[s]]];
+                default:
+                    width++;
+                    schemas[width] = s;
+                    return 2 * width;
+            }
+        }
+
+        /** The schemas that tell of the part at each place. */
+        private void gatherAround(long cone) {
+            for (int i = 0; i < MOST_PARTS; i++) {
+                around[i] = 0;
+                for (int s = 0; s < book.count; s++) {
+                    boolean isNest = Cone.holds(cone, s) && (book.kinds[s] == 'l' || book.kinds[s] == 'o');
+                    around[i] |= isNest ? Cone.bit(book.below(s, i)) : 0;
                 }
-                // Of what has no small value and very many kinds of great ones there most often is one.
-                boolean isGreat = !isSure && lower >= MOST_SIZE;
-                found = found == Needs.ENDLESS && (isThere || isGreat) ? Math.min(lower, MOST_SIZE) : found;
-                answers[place] = (found == Needs.ENDLESS ? 0 : found) | (isSure ? 0 : UNSURE);
+                long before = 0;
+                for (int pass = 0; pass < MOST_SCHEMAS && around[i] != before; pass++) {
+                    before = around[i];
+                    for (int s = 0; s < book.count; s++) {
+                        around[i] |= Cone.holds(before, s) ? book.joined(s) : 0;
+                    }
+                }
             }
-            int answer = answers[place] & ~UNSURE;
-            if (answer == answers[place]) {
-                return answer;
-            }
-            // A value that was made since can tell more.
-            int made = verdicts.leastSize(schema, other);
-            return answer == 0 ? made : made == 0 ? answer : Math.min(answer, made);
         }
 
-        /** Gets ready for the schemas as they are. */
-        private void refresh() {
-            if (edition == told.edition && book.count == told.count) {
-                return;
+        private void gatherSingles(long cone) {
+            singleCount = 0;
+            for (int j = 0; j < logic.singleCount; j++) {
+                boolean isNew = true;
+                for (int k = 0; k < singleCount; k++) {
+                    isNew &= ((logic.singles[j] ^ logic.singles[singles[k]]) & cone) != 0;
+                }
+                if (isNew) {
+                    singles[singleCount] = j;
+                    singleCount++;
+                }
             }
-            // A new schema changes nothing for the other ones.
-            if (edition != told.edition) {
-                Arrays.fill(answers, UNKNOWN);
-                needs.clear();
-            }
-            edition = told.edition;
-            book.becomePlain(told);
-            logic.prepare();
         }
 
-        /**
-         * The smallest size found on the way up, or the one known, if none is smaller. If there are too many
-         * kinds of values, some are left out, which may find an answer, though not the smallest one.
-         */
-        private int up(long must, long mustNot, int known, int turn) {
-            long most = PAIRS[turn];
-            climb.allow(ROWS[turn], most);
-            climb.ask(must, mustNot, 1);
-            int size = climb.find(known);
-            int found = climb.isAnySize ? known : Math.min(known, size);
-            long pairs = most - climb.pairs;
-            lower = Math.max(lower, climb.floor);
-            isThere |= size < Needs.ENDLESS;
-            isSure = found <= lower || (climb.isSure && (!climb.isAnySize || size == Needs.ENDLESS));
-            climb.arrange();
-            if (!isSure && found == Needs.ENDLESS && turn > 0) {
-                climb.allow(MOST_ROWS_THIN, PAIRS_THIN);
-                climb.thinOut(ROWS_OF_SIZE);
-                climb.ask(must, mustNot, 1);
-                found = climb.find(found);
-                pairs += PAIRS_THIN - climb.pairs;
+        /** The literal of one of the variables behind those for schemas. */
+        private int other(int number) {
+            return 2 * (1 + BLOCKS * width + number);
+        }
+
+        /** The literal that tells that a part is of a schema. */
+        private int ofPart(int part, int s) {
+            int code = codes[s];
+            return code <= Clauses.FAILS ? code : code + 2 * width * (part + 1);
+        }
+
+        /** The literal that tells that a part lacks what a literal of the value tells. */
+        private int lacks(int part, int code) {
+            return other(LACKING + part * 2 * (width + 1) + code);
+        }
+
+        private int isSingle(int part, int number) {
+            return other(LACKING + MOST_PARTS * 2 * (width + 1) + part * singleCount + number);
+        }
+
+        private int tell(int one, int two, int three) {
+            clauses.open();
+            clauses.add(one);
+            clauses.add(two);
+            clauses.add(three);
+            return clauses.close(Clauses.ENDLESS, Clauses.KEPT);
+        }
+
+        /** Tells what a schema means for the value, by what its parts are. */
+        private void tellNode(int s, int own) {
+            switch (book.kinds[s]) {
+                case 'u':
+                    grounds[own] = tellJoin(own, codes[book.firsts[s]], codes[book.seconds[s]]);
+                    break;
+                case '&':
+                    grounds[own ^ 1] = tellJoin(own ^ 1, codes[book.firsts[s]] ^ 1, codes[book.seconds[s]] ^ 1);
+                    break;
+                case 'l':
+                    tellList(s, own);
+                    break;
+                case 'o':
+                    tellRecord(s, own);
+                    break;
+                default:
+                    tell(own ^ 1, Clauses.FAILS, Clauses.FAILS);
+                    break;
             }
-            patience -= turn == TURNS - 1 ? (int) (pairs / PAIRS_A_QUESTION) : 0;
-            return found;
         }
 
-        /** Finds on the way up whether there is an answer of any size at all, unless one is known. */
-        private int anySize(long must, long mustNot, int known, int turn) {
-            if (known < Needs.ENDLESS || isThere || (turn == TURNS - 1 && climb.isLine())) {
-                return known;
+        /** Tells that a literal holds just if one of two others does; returns the clause that tells what it hangs on. */
+        private int tellJoin(int own, int one, int two) {
+            int ground = tell(own ^ 1, one, two);
+            tell(own, one ^ 1, Clauses.FAILS);
+            tell(own, two ^ 1, Clauses.FAILS);
+            return ground;
+        }
+
+        private void tellList(int s, int own) {
+            int a = book.firsts[s];
+            int least = book.seconds[s];
+            int most = book.thirds[s];
+            int isLong = least == 0 ? Clauses.HOLDS : other(THERE + least - 1);
+            int isLonger = most == MOST_PARTS ? Clauses.FAILS : other(THERE + most);
+            tell(own ^ 1, other(0), Clauses.FAILS);
+            tell(own ^ 1, isLong, Clauses.FAILS);
+            tell(own ^ 1, isLonger ^ 1, Clauses.FAILS);
+            for (int i = 0; i < MOST_PARTS; i++) {
+                tell(own ^ 1, other(THERE + i) ^ 1, ofPart(i, a));
             }
-            climb.allow(ROWS[turn], PAIRS_ANY[turn]);
-            climb.leaveSizes();
-            climb.ask(must, mustNot, 1);
-            isThere = climb.find(known) < Needs.ENDLESS;
-            isSure = climb.isSure && !isThere;
-            patience -= turn == TURNS - 1 ? (int) ((PAIRS_ANY[turn] - climb.pairs) / PAIRS_A_QUESTION) : 0;
-            return known;
-        }
-
-        /**
-         * The smallest size found on the way up to sizes that rise, or the one known, if none is smaller: what
-         * can only be a part of greater answers is left out each time.
-         */
-        private int confined(long must, long mustNot, int known, int turn) {
-            int found = known;
-            long most = PAIRS_CONFINED[turn];
-            long pairs = most;
-            // Along a line there are no more parts of greater values than of small ones.
-            boolean goesOn = !climb.isLine();
-            for (int reach = nextReach(lower); reach <= 2 * MOST_SIZE && goesOn && !isSure; reach = nextReach(reach)) {
-                int below = Math.min(found, Math.min(reach, MOST_SIZE));
-                climb.allow(ROWS[turn], pairs);
-                climb.confine();
-                climb.ask(must, mustNot, 1);
-                found = Math.min(found, climb.find(below));
-                pairs = climb.pairs;
-                lower = Math.max(lower, climb.floor);
-                isSure = climb.isSure || found <= lower;
-                goesOn = climb.floor >= below && below < MOST_SIZE && pairs > 0;
-                climb.arrange();
+            clauses.open();
+            clauses.add(own);
+            clauses.add(other(0) ^ 1);
+            clauses.add(isLong ^ 1);
+            clauses.add(isLonger);
+            for (int i = 0; i < MOST_PARTS; i++) {
+                clauses.add(lacks(i, codes[a]));
             }
-            patience -= turn == TURNS - 1 ? (int) ((most - pairs) / PAIRS_A_QUESTION) : 0;
-            return found;
+            grounds[own ^ 1] = clauses.close(Clauses.ENDLESS, Clauses.KEPT);
         }
 
-        private static int nextReach(int reach) {
-            return reach + reach / 8 + 2;
+        private void tellRecord(int s, int own) {
+            tell(own ^ 1, other(0) ^ 1, Clauses.FAILS);
+            for (int i = 0; i < LABELS; i++) {
+                int item = book.itemAt(s, i);
+                boolean isOpen = item < 0 && !book.isClosed(s);
+                int fits = isOpen ? Clauses.HOLDS : item < 0 ? Clauses.FAILS : ofPart(i, item);
+                tell(own ^ 1, book.mustHave(s, i) ? other(THERE + i) : Clauses.HOLDS, Clauses.FAILS);
+                tell(own ^ 1, other(THERE + i) ^ 1, fits);
+            }
+            clauses.open();
+            clauses.add(own);
+            clauses.add(other(0));
+            for (int i = 0; i < LABELS; i++) {
+                int item = book.itemAt(s, i);
+                boolean isOpen = item < 0 && !book.isClosed(s);
+                clauses.add(book.mustHave(s, i) ? other(THERE + i) ^ 1 : Clauses.FAILS);
+                clauses.add(isOpen ? Clauses.FAILS : item < 0 ? other(THERE + i) : lacks(i, codes[item]));
+            }
+            grounds[own ^ 1] = clauses.close(Clauses.ENDLESS, Clauses.KEPT);
         }
 
-        /**
-         * The smallest size found on the way down, or the one known, if none is smaller. First it is asked
-         * whether there is one at all, unless one is known, and then for one below a size that doubles.
-         */
-        private int down(long must, long mustNot, int known, int turn) {
-            int found = known;
-            long pairs = 0;
-            boolean goesOn = true;
-            for (int phase = known < Needs.ENDLESS || isThere ? 1 : 0; phase <= REACHES && goesOn; phase++) {
-                int reach = phase == 0 ? Needs.ENDLESS : Math.min(LEAST_REACH << phase, found);
-                left = phase <= 1 ? ASKED[turn] : left;
-                pairs = phase <= 1 ? PART_PAIRS[turn] : pairs;
-                if (reach <= lower) {
+        /** Tells what a part can be, as far as that is known of all lists and records that are not empty. */
+        private void tellPart(int part) {
+            int isThere = other(THERE + part);
+            int isDeep = other(DEEP + part);
+            int isList = other(DEEP_LIST + part);
+            tell(isDeep ^ 1, isThere, Clauses.FAILS);
+            tell(lacks(part, Clauses.HOLDS) ^ 1, Clauses.FAILS, Clauses.FAILS);
+            for (int code = 0; code < 2 * (width + 1); code++) {
+                tell(lacks(part, code) ^ 1, isThere, Clauses.FAILS);
+            }
+            for (int j = 1; j <= width; j++) {
+                int s = schemas[j];
+                int own = ofPart(part, s);
+                if (!Cone.holds(around[part], s)) {
                     continue;
                 }
-                int asked = left;
-                needs.start(reach);
-                cost(must, mustNot, reach);
-                for (int look = 0; look < MOST_LOOKS && needs.goesOn(phase == 0 ? FRESH_PROOF : FRESH); look++) {
-                    best = needs.reach();
-                    boolean isClimbed = false;
-                    if (pairs > 0 && needs.isUntried()) {
-                        long share = Math.min(pairs, PART_PAIRS[turn] / SHARE);
-                        climb.allow(ROWS[turn], share);
-                        climb.ask(needs.yes[needs.current], needs.no[needs.current], Needs.LEAST_DEEP);
-                        int size = climb.find(best);
-                        pairs -= share - climb.pairs;
-                        isClimbed = climb.isSure || climb.floor >= best;
-                        best = Math.min(best, size);
-                    }
-                    if (!isClimbed) {
-                        lookInto(Logic.LISTS);
-                        lookInto(Logic.RECORDS);
-                    }
-                    needs.lower(best);
-                    if (left <= 0) {
-                        break;
-                    }
-                    needs.done(best);
-                }
-                boolean ended = !needs.isBusy();
-                patience -= turn > 0 ? asked - left : 0;
-                found = Math.min(found, cost(must, mustNot, reach));
-                lower = ended && phase > 0 ? Math.max(lower, Math.min(reach, Math.min(found, MOST_SIZE))) : lower;
-                isSure = found <= lower || (ended && (phase == 0 ? found == Needs.ENDLESS : found <= reach));
-                goesOn = !isSure && (phase == 0 || ended);
-            }
-            needs.drop();
-            return found;
-        }
-
-        /** Looks for smaller lists, or records, that meet what is asked for. */
-        private void lookInto(int kind) {
-            int[] shapes = kind == Logic.LISTS ? LENGTHS : SHAPES;
-            logic.open(needs.yes[needs.current], needs.no[needs.current], kind, 0, MOST_SPLITS);
-            for (int way = 0; way <= MOST_SPLITS && !isHalted() && logic.next(); way++) {
-                left = logic.isCut ? 0 : left;
-                long those = logic.those();
-                long others = logic.others() & ~logic.nevers[kind];
-                for (int i = 0; i < shapes.length && !isHalted(); i++) {
-                    if (1 + Long.bitCount(shapes[i]) < best) {
-                        assign(rivals(shapes[i], others), 0, opened(shapes[i], those, others));
+                tell(lacks(part, 2 * j) ^ 1, own ^ 1, Clauses.FAILS);
+                tell(lacks(part, 2 * j + 1) ^ 1, own, Clauses.FAILS);
+                if (book.kinds[s] == 'u') {
+                    tellJoin(own, ofPart(part, book.firsts[s]), ofPart(part, book.seconds[s]));
+                } else if (book.kinds[s] == '&') {
+                    tellJoin(own ^ 1, ofPart(part, book.firsts[s]) ^ 1, ofPart(part, book.seconds[s]) ^ 1);
+                } else {
+                    for (int kind = Logic.LISTS; kind <= Logic.RECORDS; kind++) {
+                        int isOther = kind == Logic.LISTS ? isList ^ 1 : isList;
+                        clauses.open();
+                        clauses.add(isDeep ^ 1);
+                        clauses.add(isOther);
+                        clauses.add(Cone.holds(logic.nevers[kind], s) ? own ^ 1 : Cone.holds(logic.alwayses[kind], s) ? own : Clauses.HOLDS);
+                        clauses.close(Clauses.ENDLESS, Clauses.KEPT);
                     }
                 }
             }
         }
 
-        /** Whether the current look needs to go no further: it found enough, or has to wait for what came in. */
-        private boolean isHalted() {
-            return left <= 0 || needs.fresh <= 0 || needs.isEnough(best);
-        }
-
-        /** The size below which a part is of use, if all else has this size. */
-        private int limit(int others) {
-            return needs.isProof() ? Needs.ENDLESS : best - others;
-        }
-
-        /** Those that some part must keep a value with parts at these places from. */
-        private long rivals(int places, long others) {
-            long rivals = others;
-            long rest = others;
-            for (int n = 0; n < MOST_SCHEMAS && rest != 0; n++) {
-                int s = Long.numberOfTrailingZeros(rest);
-                rest &= rest - 1;
-                rivals &= takes(s, places) ? -1L : ~Cone.bit(s);
+        private void tellSingles(int part) {
+            int isThere = other(THERE + part);
+            int isDeep = other(DEEP + part);
+            clauses.open();
+            clauses.add(isThere ^ 1);
+            clauses.add(isDeep);
+            for (int i = 0; i < singleCount; i++) {
+                clauses.add(isSingle(part, i));
             }
-            return rivals;
-        }
-
-        private boolean takes(int s, int places) {
-            return ((book.needed(s) & ~places) | (book.barred(s) & places)) == 0;
-        }
-
-        /** The size, so far, of a value with parts at these places; ENDLESS if there can't be one. */
-        private int opened(int places, long those, long others) {
-            Arrays.fill(wants, 0);
-            Arrays.fill(misses, 0);
-            Arrays.fill(barred, book.always);
-            Arrays.fill(costs, 0);
-            long rest = those;
-            for (int n = 0; n < MOST_SCHEMAS && rest != 0; n++) {
-                int s = Long.numberOfTrailingZeros(rest);
-                rest &= rest - 1;
-                if (!takes(s, places)) {
-                    return Needs.ENDLESS;
-                }
-                for (int i = 0; i < MOST_PARTS; i++) {
-                    add(i, book.below(s, i), 0);
+            clauses.close(Clauses.ENDLESS, Clauses.KEPT);
+            for (int i = 0; i < singleCount; i++) {
+                int single = isSingle(part, i);
+                tell(single ^ 1, isDeep ^ 1, Clauses.FAILS);
+                tell(single ^ 1, isThere, Clauses.FAILS);
+                for (int j = 1; j <= width; j++) {
+                    int s = schemas[j];
+                    boolean isAtom = book.kinds[s] != 'u' && book.kinds[s] != '&';
+                    if (isAtom && Cone.holds(around[part], s)) {
+                        tell(single ^ 1, ofPart(part, s) ^ (Cone.holds(logic.singles[singles[i]], s) ? 0 : 1), Clauses.FAILS);
+                    }
                 }
             }
-            int total = 1;
-            for (int i = 0; i < MOST_PARTS && total < best; i++) {
-                int behind = Integer.bitCount(places >> i >> 1);
-                twins[i] = twinOf(i, places, others);
-                costs[i] = (places >> i & 1) == 0 ? 0 : cost(wants[i], misses[i], limit(total + behind));
-                total += costs[i];
-            }
-            return total;
         }
 
-        /** Adds to a part what it must be (0) or not be (2), and what follows. */
-        private void add(int part, int item, int not) {
-            if (item >= 0) {
-                wants[part] |= logic.follows[4 * item + not];
-                misses[part] |= logic.follows[4 * item + not + 1];
-            }
-        }
-
-        /** The last place ahead of this one where all the same is asked for, or -1. */
-        private int twinOf(int place, int places, long others) {
-            for (int i = place - 1; i >= 0; i--) {
-                boolean same = (places >> i & 1) == 1 && wants[i] == wants[place] && misses[i] == misses[place];
-                long rest = others;
-                for (int n = 0; n < MOST_SCHEMAS && rest != 0 && same; n++) {
-                    int s = Long.numberOfTrailingZeros(rest);
-                    rest &= rest - 1;
-                    same = book.below(s, i) == book.below(s, place);
+        /** The parts of a list can change places: they stand in the order of the first schemas that they are told to lack. */
+        private void tellOrder() {
+            openCount = 0;
+            for (int j = 1; j <= width; j++) {
+                boolean isNew = book.kinds[schemas[j]] == 'l';
+                int code = isNew ? codes[book.firsts[schemas[j]]] : Clauses.HOLDS;
+                for (int k = 0; k < openCount; k++) {
+                    isNew &= open[k] != code;
                 }
-                if (same) {
-                    return i;
+                open[openCount] = code;
+                openCount += isNew ? 1 : 0;
+            }
+            for (int part = 1; part < MOST_PARTS; part++) {
+                for (int k = 0; k < openCount; k++) {
+                    clauses.open();
+                    clauses.add(other(0) ^ 1);
+                    clauses.add(lacks(part, open[k]) ^ 1);
+                    for (int q = 0; q <= k; q++) {
+                        clauses.add(lacks(part - 1, open[q]));
+                    }
+                    clauses.close(Clauses.ENDLESS, Clauses.KEPT);
+                }
+            }
+        }
+
+        /** Tells that a list or record, if it is deep and of all these and of none of those, costs so much as a part. */
+        void tellCost(long yes, long no, int cost) {
+            for (int i = 0; i < MOST_PARTS; i++) {
+                if (((yes | no) & ~around[i]) == 0 && clauses.hasRoom()) {
+                    clauses.open();
+                    clauses.add(other(DEEP + i) ^ 1);
+                    for (int s = 0; s < book.count; s++) {
+                        clauses.add(Cone.holds(yes, s) ? ofPart(i, s) ^ 1 : Clauses.FAILS);
+                        clauses.add(Cone.holds(no, s) ? ofPart(i, s) : Clauses.FAILS);
+                    }
+                    clauses.close(cost, cost >= Clauses.ENDLESS ? Clauses.KEPT : i);
+                }
+            }
+        }
+
+        /**
+         * Whether a list or record that is not empty can be of all these and of none of those with a total below this, as
+         * far as the costs of parts are told; if not, it is seen what of these and those is too much.
+         */
+        boolean isMet(long yes, long no, int below, int mostTries) {
+            ask(yes, no);
+            if (!clauses.start(below)) {
+                return false;
+            }
+            int tries = 0;
+            for (int i = 0; i < MOST_STEPS; i++) {
+                int failed = clauses.draw();
+                int level = clauses.level;
+                int choice = NONE;
+                if (failed >= 0 && level > askedCount) {
+                    clauses.learn(failed);
+                    tries++;
+                    isUnsure = tries > mostTries || !clauses.hasRoom();
+                    if (isUnsure) {
+                        return true;
+                    }
+                    continue;
+                }
+                if (failed < 0 && level < askedCount) {
+                    choice = codes[asked[level] % NOT] ^ asked[level] / NOT;
+                } else if (failed < 0) {
+                    choice = walk(false);
+                    choice = choice < 0 ? shapeChoice() : choice;
+                    if (choice < 0) {
+                        return true;
+                    }
+                }
+                if (failed >= 0 || clauses.values[choice] < 0) {
+                    clauses.blame(failed, choice);
+                    gatherCore(failed >= 0 ? level : level + 1);
+                    return false;
+                }
+                clauses.choose(choice);
+            }
+            isUnsure = true;
+            return true;
+        }
+
+        private void ask(long yes, long no) {
+            isUnsure = false;
+            coreYes = 0;
+            coreNo = 0;
+            askedCount = 0;
+            for (int s = 0; s < book.count; s++) {
+                for (int sign = 0; sign < 2; sign++) {
+                    if (Cone.holds(sign == 0 ? yes : no, s)) {
+                        asked[askedCount] = s + sign * NOT;
+                        askedCount++;
+                    }
+                }
+            }
+        }
+
+        /** Gathers what of the first things that were asked for is to blame, the last one of them in any case. */
+        private void gatherCore(int count) {
+            for (int i = 0; i < count && i < askedCount; i++) {
+                int s = asked[i] % NOT;
+                int sign = asked[i] / NOT;
+                if (clauses.isBlamed(codes[s] ^ sign) || (i == count - 1 && clauses.values[codes[s] ^ sign] < 0)) {
+                    coreYes |= sign == 0 ? Cone.bit(s) : 0;
+                    coreNo |= sign == 1 ? Cone.bit(s) : 0;
+                }
+            }
+        }
+
+        /** What is to be chosen of the shape of the value, and of its parts of size 1, or -1 if nothing has to be. */
+        private int shapeChoice() {
+            int[] values = clauses.values;
+            int choice = values[other(0)] == 0 ? other(0) : NONE;
+            for (int i = MOST_PARTS - 1; i >= 0 && choice < 0; i--) {
+                choice = values[other(THERE + i)] == 0 ? other(THERE + i) ^ 1 : NONE;
+            }
+            for (int i = 0; i < MOST_PARTS && choice < 0; i++) {
+                if (values[other(THERE + i)] > 0 && values[other(DEEP + i)] == 0) {
+                    for (int j = 0; j < singleCount; j++) {
+                        int single = isSingle(i, j);
+                        boolean isBetter = choice < 0 || seen(single) > seen(choice);
+                        choice = values[single] == 0 && isBetter ? single : choice;
+                    }
+                }
+            }
+            return choice;
+        }
+
+        private int seen(int literal) {
+            return clauses.facts[Clauses.FACTS * (literal >> 1) + Clauses.SEEN];
+        }
+
+        /**
+         * Goes through what has to be so; returns what is to be chosen for something that has no ground yet, or -1. It can
+         * gather what is needed of the parts by the way.
+         */
+        private int walk(boolean gathers) {
+            marks[0] = 0;
+            marks[1] = 0;
+            openCount = 0;
+            for (int i = 0; i < askedCount; i++) {
+                push(codes[asked[i] % NOT] ^ asked[i] / NOT);
+            }
+            for (int n = 0; n < MOST_CODES && openCount > 0; n++) {
+                openCount--;
+                int code = open[openCount];
+                int s = schemas[code >> 1];
+                int sign = code & 1;
+                char kind = book.kinds[s];
+                boolean isJoin = kind == 'u' || kind == '&';
+                int best = grounds[code] < 0 ? NONE : bestOf(grounds[code]);
+                if (isJoin && sign == (kind == 'u' ? 1 : 0)) {
+                    push(codes[book.firsts[s]] ^ sign);
+                    push(codes[book.seconds[s]] ^ sign);
+                } else if (best >= 0 && clauses.values[best] == 0) {
+                    return best;
+                } else if (isJoin && best >= 0) {
+                    push(best);
+                } else if (gathers && sign == 0) {
+                    needAll(s);
+                } else if (gathers && best >= 0) {
+                    needLack(grounds[code]);
                 }
             }
             return NONE;
         }
 
-        /**
-         * Gives each of these rivals a part that keeps the value from being of it, the one with the fewest
-         * ways first. What a way covers is barred from those behind it.
-         */
-        private void assign(long rivals, int touched, int total) {
-            if (total >= best || isHalted()) {
-                return;
+        private void push(int code) {
+            if (code > Clauses.FAILS && (marks[code & 1] >> (code >> 1) & 1) == 0) {
+                marks[code & 1] |= 1L << (code >> 1);
+                open[openCount] = code;
+                openCount++;
             }
-            int s = nextOf(rivals, touched);
-            if (s < 0) {
-                best = Math.min(total, MOST_SIZE);
-                return;
+        }
+
+        /** Of the literals of a clause one that holds, best one that is looked at anyway; or else the one that is to be tried. */
+        private int bestOf(int ground) {
+            int[] words = clauses.words;
+            int[] facts = clauses.facts;
+            int best = NONE;
+            for (int i = 0; i < words[ground]; i++) {
+                int literal = words[ground + Clauses.HEAD + i];
+                int value = clauses.values[literal];
+                int known = best < 0 ? NONE : clauses.values[best];
+                boolean isAsked = literal < 2 * (width + 1) && (marks[literal & 1] >> (literal >> 1) & 1) == 1;
+                boolean isNewer = known == 0 && facts[Clauses.FACTS * (literal >> 1) + Clauses.SEEN]
+                        > facts[Clauses.FACTS * (best >> 1) + Clauses.SEEN];
+                if (value > known || (value == known && value >= 0 && (value > 0 ? isAsked : isNewer))) {
+                    best = literal;
+                }
             }
-            long one = barred[0];
-            long two = barred[1];
-            long three = barred[2];
-            long four = barred[3];
+            return best;
+        }
+
+        /** All parts need what a schema of lists or records tells of them. */
+        private void needAll(int s) {
             for (int i = 0; i < MOST_PARTS; i++) {
-                if (helps(s, i, touched)) {
-                    long wanted = wants[i];
-                    long missed = misses[i];
-                    int was = costs[i];
-                    add(i, book.below(s, i), 2);
-                    if ((misses[i] & (barred[i] | wants[i])) == 0) {
-                        costs[i] = cost(wants[i], misses[i], limit(total - was));
-                        assign(rivals & ~Cone.bit(s), touched | 1 << i, total - was + costs[i]);
-                    }
-                    wants[i] = wanted;
-                    misses[i] = missed;
-                    costs[i] = was;
-                    bar(s, i, touched);
-                }
-            }
-            barred[0] = one;
-            barred[1] = two;
-            barred[2] = three;
-            barred[3] = four;
-        }
-
-        /** The rival with the fewest ways left, or -1 if the value is kept from all of them. */
-        private int nextOf(long rivals, int touched) {
-            int next = NONE;
-            int fewest = MOST_PARTS + 1;
-            long rest = rivals;
-            for (int n = 0; n < MOST_SCHEMAS && rest != 0; n++) {
-                int s = Long.numberOfTrailingZeros(rest);
-                rest &= rest - 1;
-                int ways = 0;
-                for (int i = 0; i < MOST_PARTS; i++) {
-                    boolean isMissed = costs[i] > 0 && Cone.holds(misses[i], book.below(s, i));
-                    ways += isMissed ? MOST_PARTS + 1 : helps(s, i, touched) ? 1 : 0;
-                }
-                next = ways < fewest ? s : next;
-                fewest = Math.min(ways, fewest);
-            }
-            return next;
-        }
-
-        /** Whether the part at a place can keep the value from a rival, and no place that is as good comes ahead. */
-        private boolean helps(int s, int i, int touched) {
-            int item = book.below(s, i);
-            boolean isSpare = twins[i] >= 0 && (touched >> i & 1) == 0 && (touched >> twins[i] & 1) == 0;
-            return costs[i] > 0 && item >= 0 && !isSpare && !Cone.holds(wants[i] | barred[i], item);
-        }
-
-        /** Bars a way from now on, and those that are as good. */
-        private void bar(int s, int place, int touched) {
-            int those = 1 << place;
-            barred[place] |= Cone.bit(book.below(s, place));
-            for (int i = place + 1; i < MOST_PARTS && (touched >> place & 1) == 0; i++) {
-                if (twins[i] >= 0 && (those >> twins[i] & 1) == 1 && (touched >> i & 1) == 0) {
-                    those |= 1 << i;
-                    barred[i] |= Cone.bit(book.below(s, i));
+                int item = book.kinds[s] == 'l' ? book.firsts[s] : book.kinds[s] == 'o' ? book.items[s * LABELS + i] : NONE;
+                if (item >= 0 && clauses.values[2 * (1 + BLOCKS * width + THERE + i)] > 0 && codes[item] > Clauses.FAILS) {
+                    needs[i + MOST_PARTS * (codes[item] & 1)] |= 1L << schemas[codes[item] >> 1];
                 }
             }
         }
 
-        /** The smallest size known of a value of all these and of none of those, as far as it is below the limit. */
-        private int cost(long must, long mustNot, int limit) {
-            left--;
-            if (logic.hasSingle(must, mustNot)) {
-                return 1;
+        /** One part needs to lack something, unless something else is the ground. */
+        private void needLack(int ground) {
+            int first = 1 + BLOCKS * width + LACKING;
+            int chosen = NONE;
+            for (int i = 0; i < clauses.words[ground]; i++) {
+                int literal = clauses.words[ground + Clauses.HEAD + i];
+                int place = (literal >> 1) - first;
+                if (clauses.values[literal] <= 0) {
+                    continue;
+                }
+                int part = place / (2 * (width + 1));
+                int code = place % (2 * (width + 1));
+                if (place < 0 || code <= Clauses.FAILS || (needs[part + MOST_PARTS * (1 - (code & 1))] >> schemas[code >> 1] & 1) == 1) {
+                    return;
+                }
+                chosen = chosen < 0 || place < chosen ? place : chosen;
             }
-            logic.yes = must;
-            logic.no = mustNot;
-            if (limit <= Needs.LEAST_DEEP || !logic.ease(logic.nevers[Logic.EITHER], logic.alwayses[Logic.EITHER])) {
-                return Needs.ENDLESS;
+            int part = chosen / (2 * (width + 1));
+            int code = chosen % (2 * (width + 1));
+            if (chosen >= 0) {
+                needs[part + MOST_PARTS * (1 - (code & 1))] |= 1L << schemas[code >> 1];
             }
-            boolean noList = ((logic.yes & logic.nevers[Logic.LISTS]) | (logic.no & logic.alwayses[Logic.LISTS])) != 0;
-            boolean noRecord = ((logic.yes & logic.nevers[Logic.RECORDS]) | (logic.no & logic.alwayses[Logic.RECORDS])) != 0;
-            int kind = noList ? Logic.RECORDS : noRecord ? Logic.LISTS : Logic.EITHER;
-            logic.no |= (noList ? Logic.LIST : 0) | (noRecord ? Logic.RECORD : 0);
-            if (!logic.ease(logic.nevers[kind], logic.alwayses[kind])) {
-                return Needs.ENDLESS;
+        }
+
+        /** Tells what was found of the parts: what each must be of, and of what not. */
+        void lift() {
+            Arrays.fill(needs, 0);
+            walk(true);
+            there = 0;
+            for (int i = 0; i < MOST_PARTS; i++) {
+                there |= clauses.values[other(THERE + i)] > 0 ? 1 << i : 0;
             }
-            long followsYes = logic.yes;
-            long followsNo = logic.no;
-            logic.trim(kind);
-            return needs.sizeAt(needs.placeOf(logic.yes, logic.no, followsYes, followsNo), limit);
+        }
+
+        boolean isList() {
+            return clauses.values[other(0)] > 0;
         }
     }
 
-    /** Makes values from others (views by the steps of the lens, what is put back, what is merged), and schemas from samples. */
-    private static final class Makers {
-        private static final int LEVELS = MOST_DEPTH + 2;
-        private static final int KINDS = 6;
+    /**
+     * Finds how small the smallest value is that is as is asked for, down from the question. It keeps what it learned of how
+     * great all lists and records that are not empty are that are of some schemas and not of others, and looks for a value
+     * that is no greater than this allows: either there is one, or more is learned. Instead of sizes it can count how deep
+     * values are: then it sees, too, when there is none at all.
+     */
+    private static final class Prover {
+        static final int ENDLESS = Clauses.ENDLESS;
+        private static final int HUGE = ENDLESS / 2;
+        private static final int LEAST_DEEP = 2;
+        private static final int MOST_FACTS = 20000;
+        private static final int MOST_MADE = 5000;
+        private static final int MOST_FRAMES = 2500;
+        private static final int MOST_LEVELS = 1 << 12;
+        private static final int MOST_STEPS = 100000000;
+        private static final int FULL = Clauses.MOST_WORDS / 4 * 3;
+        private static final int GROWTH = 60000;
+        /** How often it is tried again to tell less of what is too much, and how many of such tries stand within each other. */
+        private static final int TRIES = 2;
+        private static final int NESTED = 2;
+        private static final int FEW_FAILS = 1000;
+        private static final int MANY_FAILS = 100000;
+        private static final int RISE = 20;
+        /** Of a frame: what is asked for, and what was found of the parts; the shape (or -1) and what parts cost at least. */
+        private static final int ASKS = 2 + 2 * MOST_PARTS;
+        private static final int STATES = 1 + MOST_PARTS;
+        private static final int IS_LIST = 1 << MOST_PARTS;
 
-        private final Values pool;
         private final Schemas book;
-        private final char[] kinds = new char[MOST_STEPS];
-        private final int[] firsts = new int[MOST_STEPS];
-        private final int[] seconds = new int[MOST_STEPS];
-        private final int[] trail = new int[MOST_STEPS + 1];
-        private final int[] alone = {NONE, NONE, NONE, NONE};
-        /** What is merged of the parts, for each depth. */
-        private final int[] rows = new int[(MOST_DEPTH + 1) * MOST_PARTS];
-        int stepCount;
-        int clashes;
-        /** For each level below the samples: the values there, the schemas for labels, and those for kinds. */
-        private final int[] marks = new int[LEVELS * MOST_VALUES];
-        private final int[] items = new int[LEVELS * LABELS];
-        private final int[] found = new int[LEVELS * KINDS];
+        private final Logic logic;
+        private final Ways ways;
+        private final boolean isDepth;
+        private long cone;
+        /** For some schemas, and some others, what no deep value counts less than that is of these and not of those. */
+        private final long[] facts = new long[2 * MOST_FACTS];
+        private final int[] bounds = new int[MOST_FACTS];
+        private int factCount;
+        /** How many facts have each bound. */
+        private final int[] levels = new int[MOST_LEVELS];
+        /** The values that were made: the schemas that they are of; what they count and their sizes. */
+        private final long[] made = new long[MOST_MADE];
+        private final int[] counts = new int[2 * MOST_MADE];
+        private int madeCount;
+        private final long[] asks = new long[ASKS * MOST_FRAMES];
+        private final int[] states = new int[STATES * MOST_FRAMES];
+        private int frames;
+        /** What was found of parts, for each of the tries that stand within each other. */
+        private final long[] needs = new long[2 * MOST_PARTS * (NESTED + 1)];
+        /** No answer counts less than this; and the size of an answer, or ENDLESS. */
+        int lower;
+        int found;
+        /** Whether it came to its end, and whether it can't. */
+        boolean isDone;
+        boolean isStuck;
 
-        Makers(Values pool, Schemas book) {
-            this.pool = pool;
+        Prover(Schemas book, Logic logic, Ways ways, boolean isDepth) {
             this.book = book;
+            this.logic = logic;
+            this.ways = ways;
+            this.isDepth = isDepth;
         }
 
-        /** Whether there is such a step, its label a being one. */
-        static boolean takes(char kind, int a, int b) {
-            switch (kind) {
-                case 'r':
-                case 'n':
-                    return isLabel(b) && a != b;
-                case 's':
-                    return b >= 0 && b <= 9;
-                case 'a':
-                case 'd':
-                case 'w':
-                    return true;
-                default:
-                    return false;
-            }
-        }
-
-        /** The number of steps with this one, or -1 if there is no room. */
-        int add(char kind, int a, int b) {
-            if (stepCount >= MOST_STEPS) {
-                return NONE;
-            }
-            kinds[stepCount] = kind;
-            firsts[stepCount] = a;
-            seconds[stepCount] = b;
-            stepCount++;
-            return stepCount;
-        }
-
-        /** The view, or -1 if a step does not fit. */
-        int viewOf(int record) {
-            trail[0] = pool.isRecord(record) ? record : NONE;
-            for (int i = 0; i < stepCount; i++) {
-                trail[i + 1] = pool.isRecord(trail[i]) ? done(i, trail[i]) : NONE;
-            }
-            return trail[stepCount];
-        }
-
-        /** The record that has this view, or -1 if a step does not fit, after a view was got from the old one. */
-        int putBack(int view) {
-            int now = view;
-            for (int i = stepCount - 1; i >= 0; i--) {
-                now = pool.isRecord(now) ? undone(i, now) : NONE;
-            }
-            return pool.isRecord(now) ? now : NONE;
-        }
-
-        private int done(int step, int record) {
-            int a = firsts[step];
-            int b = seconds[step];
-            int there = pool.at(record, a);
-            switch (kinds[step]) {
-                case 'r':
-                    return renamed(record, a, b);
-                case 'd':
-                    return pool.labelled(record, a, NONE);
-                case 'a':
-                    return there >= 0 ? NONE : pool.labelled(record, a, b);
-                case 'n':
-                    return putIn(record, a, b);
-                case 'w':
-                    return there < 0 ? record : pool.labelled(record, a, listOf(there));
-                default:
-                    return swapped(record, a, b);
-            }
-        }
-
-        private int undone(int step, int record) {
-            int a = firsts[step];
-            int b = seconds[step];
-            int there = pool.at(record, a);
-            switch (kinds[step]) {
-                case 'r':
-                    return renamed(record, b, a);
-                case 'd':
-                    return there >= 0 ? NONE : pool.labelled(record, a, pool.at(trail[step], a));
-                case 'a':
-                    return there == b ? pool.labelled(record, a, NONE) : NONE;
-                case 'n':
-                    return takenOut(record, a, b);
-                case 'w':
-                    return there < 0 ? record : unlisted(record, a, there);
-                default:
-                    return swapped(record, a, b);
-            }
-        }
-
-        private int renamed(int record, int from, int to) {
-            if (pool.at(record, to) >= 0) {
-                return NONE;
-            }
-            int there = pool.at(record, from);
-            return there < 0 ? record : pool.labelled(pool.labelled(record, from, NONE), to, there);
-        }
-
-        private int putIn(int record, int a, int b) {
-            int inner = pool.at(record, b);
-            if (!pool.isRecord(inner) || pool.at(inner, a) >= 0) {
-                return NONE;
-            }
-            int there = pool.at(record, a);
-            if (there < 0) {
-                return record;
-            }
-            int fuller = pool.labelled(inner, a, there);
-            return fuller < 0 ? NONE : pool.labelled(pool.labelled(record, a, NONE), b, fuller);
-        }
-
-        private int takenOut(int record, int a, int b) {
-            int inner = pool.at(record, b);
-            if (!pool.isRecord(inner) || pool.at(record, a) >= 0) {
-                return NONE;
-            }
-            int there = pool.at(inner, a);
-            if (there < 0) {
-                return record;
-            }
-            int emptier = pool.labelled(inner, a, NONE);
-            return pool.labelled(pool.labelled(record, b, emptier), a, there);
-        }
-
-        /** A list of one part, or -1 if that is too deep. */
-        private int listOf(int part) {
-            alone[0] = part;
-            return pool.draft('l', 1, alone, 0);
-        }
-
-        private int unlisted(int record, int label, int there) {
-            boolean fits = pool.isList(there) && pool.numbers[there] == 1;
-            return fits ? pool.labelled(record, label, pool.at(there, 0)) : NONE;
-        }
-
-        private int swapped(int record, int label, int symbol) {
-            int there = pool.at(record, label);
-            if (there < 0 || pool.kinds[there] != 's') {
-                return record;
-            }
-            int before = pool.numbers[there];
-            if (before != symbol && before != 9 - symbol) {
-                return record;
-            }
-            alone[0] = NONE;
-            return pool.labelled(record, label, pool.draft('s', 9 - before, alone, 0));
-        }
-
-        /** What is merged of two values that came from a first one. */
-        int merged(int first, int one, int other) {
-            clashes = 0;
-            return mergedAt(first, one, other, 0);
-        }
-
-        /** What is merged, where -1 is nothing there. */
-        private int mergedAt(int first, int one, int other, int depth) {
-            if (one == other || first == other) {
-                return one;
-            }
-            if (first == one) {
-                return other;
-            }
-            boolean records = pool.isRecord(first) && pool.isRecord(one) && pool.isRecord(other);
-            if (depth > MOST_DEPTH || !(records || areListsOfOneLength(first, one, other))) {
-                clashes++;
-                return one;
-            }
-            int from = depth * MOST_PARTS;
-            for (int i = 0; i < MOST_PARTS; i++) {
-                rows[from + i] = mergedAt(pool.at(first, i), pool.at(one, i), pool.at(other, i), depth + 1);
-            }
-            char kind = records ? 'o' : 'l';
-            return pool.draft(kind, records ? Values.labelBits(rows, from) : pool.numbers[first], rows, from);
-        }
-
-        private boolean areListsOfOneLength(int first, int one, int other) {
-            return pool.isList(first) && pool.isList(one) && pool.isList(other)
-                    && pool.numbers[first] == pool.numbers[one] && pool.numbers[first] == pool.numbers[other];
-        }
-
-        /** The schema for the samples, or -1, and nothing made, if there would be too many. */
-        int found(int[] samples, int count) {
-            int before = book.count;
-            Arrays.fill(marks, 0, MOST_VALUES, 0);
-            for (int i = 0; i < count && i < samples.length; i++) {
-                mark(0, samples[i]);
-            }
-            int made = foundAt(0);
-            if (made < 0) {
-                book.cut(before);
-            }
-            return made;
-        }
-
-        private void mark(int level, int value) {
-            if (level >= 0 && level < LEVELS && pool.has(value)) {
-                marks[level * MOST_VALUES + value] = 1;
-            }
-        }
-
-        private boolean isMarked(int level, int value, char kind) {
-            return marks[level * MOST_VALUES + value] == 1 && pool.kinds[value] == kind;
-        }
-
-        private void clearLevel(int level) {
-            Arrays.fill(marks, level * MOST_VALUES, (level + 1) * MOST_VALUES, 0);
-        }
-
-        private int foundAt(int level) {
-            if (level + 1 >= LEVELS) {
-                return NONE;
-            }
-            int made = 0;
-            for (int i = 0; i < KINDS; i++) {
-                char kind = kindAt(i);
-                if (howMany(level, kind) > 0) {
-                    int schema = foundFor(level, kind);
-                    if (schema < 0) {
-                        return NONE;
-                    }
-                    found[level * KINDS + made] = schema;
-                    made++;
+        /** Starts with a question for a value of these and not of those. */
+        void start(long must, long mustNot) {
+            cone = must | mustNot;
+            long before = 0;
+            for (int pass = 0; pass < MOST_SCHEMAS && cone != before; pass++) {
+                before = cone;
+                for (int s = 0; s < book.count; s++) {
+                    cone |= Cone.holds(before, s) ? book.joined(s) | book.nested(s) : 0;
                 }
             }
-            return made == 0 ? book.add('0', 0, 0, 0) : joinedUp(level, made);
-        }
-
-        private static char kindAt(int index) {
-            switch (index) {
-                case 0:
-                    return 'z';
-                case 1:
-                    return 'b';
-                case 2:
-                    return 'n';
-                case 3:
-                    return 's';
-                case 4:
-                    return 'l';
-                default:
-                    return 'o';
+            Arrays.fill(levels, 0);
+            factCount = 0;
+            madeCount = 0;
+            frames = 0;
+            push(must, mustNot);
+            lower = 1;
+            found = ENDLESS;
+            isDone = false;
+            isStuck = false;
+            for (int i = 0; i < logic.singleCount; i++) {
+                note(logic.singles[i], 1, 1);
             }
         }
 
-        private int howMany(int level, char kind) {
-            int those = 0;
-            for (int v = 0; v < pool.count; v++) {
-                those += isMarked(level, v, kind) ? 1 : 0;
-            }
-            return those;
-        }
-
-        private int joinedUp(int level, int made) {
-            int all = found[level * KINDS];
-            for (int i = 1; i < made && all >= 0; i++) {
-                all = book.add('u', all, found[level * KINDS + i], 0);
-            }
-            return all;
-        }
-
-        private int foundFor(int level, char kind) {
-            switch (kind) {
-                case 'n':
-                    return book.add('n', lowest(level, kind), greatest(level, kind), 0);
-                case 's':
-                    return book.add('s', symbolBits(level), 0, 0);
-                case 'l':
-                    return listSchema(level);
-                case 'o':
-                    return recordSchema(level);
-                default:
-                    return book.add(kind, 0, 0, 0);
+        /** Takes over what another one knows to have no values. */
+        void adopt(Prover other) {
+            for (int i = 0; i < other.factCount; i++) {
+                boolean isNew = other.bounds[i] >= ENDLESS && factCount < MOST_FACTS;
+                for (int k = 0; k < factCount && isNew; k++) {
+                    isNew = facts[2 * k] != other.facts[2 * i] || facts[2 * k + 1] != other.facts[2 * i + 1];
+                }
+                if (isNew) {
+                    facts[2 * factCount] = other.facts[2 * i];
+                    facts[2 * factCount + 1] = other.facts[2 * i + 1];
+                    bounds[factCount] = ENDLESS;
+                    factCount++;
+                }
             }
         }
 
-        private int lowest(int level, char kind) {
-            int least = Integer.MAX_VALUE;
-            for (int v = 0; v < pool.count; v++) {
-                least = isMarked(level, v, kind) ? Math.min(least, pool.numbers[v]) : least;
+        private void push(long must, long mustNot) {
+            asks[ASKS * frames] = must;
+            asks[ASKS * frames + 1] = mustNot;
+            states[STATES * frames] = NONE;
+            frames++;
+        }
+
+        private void note(long bits, int count, int size) {
+            isStuck |= madeCount >= MOST_MADE;
+            if (!isStuck) {
+                made[madeCount] = bits;
+                counts[2 * madeCount] = count;
+                counts[2 * madeCount + 1] = size;
+                madeCount++;
+            }
+        }
+
+        /** Goes on until it is settled, or so much work was done. */
+        void run(long work) {
+            int cap = isDepth ? ENDLESS : MOST_SIZE;
+            long end = ways.clauses.work + work;
+            int limit = 0;
+            for (int i = 0; i < MOST_STEPS && !isDone && !isStuck && ways.clauses.work < end; i++) {
+                if (ways.clauses.top >= limit) {
+                    ways.build(cone, isDepth);
+                    for (int k = 0; k < factCount; k++) {
+                        ways.tellCost(facts[2 * k], facts[2 * k + 1], bounds[k]);
+                    }
+                    limit = Math.min(2 * ways.clauses.top + GROWTH, Clauses.MOST_WORDS / 8 * 7);
+                    isStuck = ways.clauses.top > FULL;
+                }
+                int frame = frames - 1;
+                long yes = asks[ASKS * frame];
+                long no = asks[ASKS * frame + 1];
+                int bound = boundOf(yes, no);
+                int known = leastMade(yes, no);
+                boolean isSettled = bound >= cap || (known >= 0 && counts[2 * known] <= bound);
+                if (frame == 0) {
+                    lower = bound;
+                    found = known < 0 ? ENDLESS : counts[2 * known + 1];
+                    isDone = isSettled;
+                }
+                if (isSettled) {
+                    frames -= frame == 0 ? 0 : 1;
+                } else if (states[STATES * frame] >= 0) {
+                    goOn(frame);
+                } else if (ways.isMet(yes, no, bound + 1, MANY_FAILS)) {
+                    isStuck |= ways.isUnsure;
+                    ways.lift();
+                    keepNeeds(frame);
+                } else {
+                    narrow(bound + 1, 0);
+                    frames -= frame == 0 ? 0 : 1;
+                }
+            }
+        }
+
+        /** What no value counts less than that is of all these and of none of those; ENDLESS if there is none. */
+        private int boundOf(long yes, long no) {
+            if (logic.hasSingle(yes, no)) {
+                return 1;
+            }
+            logic.yes = yes;
+            logic.no = no;
+            if (!logic.ease(logic.nevers[Logic.EITHER], logic.alwayses[Logic.EITHER])) {
+                return ENDLESS;
+            }
+            int bound = LEAST_DEEP;
+            for (int i = 0; i < factCount; i++) {
+                if (bounds[i] > bound && ((facts[2 * i] & ~logic.yes) | (facts[2 * i + 1] & ~logic.no)) == 0) {
+                    bound = bounds[i];
+                }
+            }
+            return bound;
+        }
+
+        /** The value that counts least of those that were made and are of all these and of none of those, or -1. */
+        private int leastMade(long yes, long no) {
+            int least = NONE;
+            for (int i = 0; i < madeCount; i++) {
+                boolean isLess = least < 0 || counts[2 * i] < counts[2 * least];
+                if (isLess && ((yes & ~made[i]) | (no & made[i])) == 0) {
+                    least = i;
+                }
             }
             return least;
         }
 
-        private int greatest(int level, char kind) {
-            int greatest = Integer.MIN_VALUE;
-            for (int v = 0; v < pool.count; v++) {
-                greatest = isMarked(level, v, kind) ? Math.max(greatest, pool.numbers[v]) : greatest;
+        /** Keeps what was found of the parts of a frame, and what they cost at least. */
+        private void keepNeeds(int frame) {
+            states[STATES * frame] = ways.there | (ways.isList() ? IS_LIST : 0);
+            for (int i = 0; i < MOST_PARTS; i++) {
+                long yes = ways.needs[i];
+                long no = ways.needs[MOST_PARTS + i];
+                asks[ASKS * frame + 2 + 2 * i] = yes;
+                asks[ASKS * frame + 3 + 2 * i] = no;
+                states[STATES * frame + 1 + i] = (ways.there >> i & 1) == 1 ? boundOf(yes, no) : 0;
             }
-            return greatest;
         }
 
-        private int symbolBits(int level) {
-            int bits = 0;
-            for (int v = 0; v < pool.count; v++) {
-                bits |= isMarked(level, v, 's') ? 1 << pool.numbers[v] : 0;
+        /** Looks into the part that costs least of those that are not settled; if all are, a value is made of them. */
+        private void goOn(int frame) {
+            int next = NONE;
+            int least = ENDLESS;
+            for (int i = 0; i < MOST_PARTS; i++) {
+                long yes = asks[ASKS * frame + 2 + 2 * i];
+                long no = asks[ASKS * frame + 3 + 2 * i];
+                int before = states[STATES * frame + 1 + i];
+                int bound = before == 0 ? 0 : boundOf(yes, no);
+                if (bound > before) {
+                    // It costs more than was thought, so that another way may be better.
+                    states[STATES * frame] = NONE;
+                    return;
+                }
+                int known = before == 0 ? NONE : leastMade(yes, no);
+                if (before > 0 && (known < 0 || counts[2 * known] > bound) && bound < least) {
+                    least = bound;
+                    next = i;
+                }
             }
-            return bits;
+            if (next < 0) {
+                make(frame);
+                states[STATES * frame] = NONE;
+            } else if (frames < MOST_FRAMES) {
+                push(asks[ASKS * frame + 2 + 2 * next], asks[ASKS * frame + 3 + 2 * next]);
+            } else {
+                isStuck = true;
+            }
         }
 
-        private int listSchema(int level) {
-            clearLevel(level + 1);
-            for (int v = 0; v < pool.count; v++) {
-                for (int i = 0; i < MOST_PARTS && isMarked(level, v, 'l'); i++) {
-                    mark(level + 1, pool.at(v, i));
+        /** Makes a value of the least parts that are as they need to be. */
+        private void make(int frame) {
+            int there = states[STATES * frame] & ALL_PLACES;
+            boolean isList = (states[STATES * frame] & IS_LIST) != 0;
+            int count = 1;
+            int size = 1;
+            long own = 0;
+            for (int s = 0; s < book.count; s++) {
+                boolean isKind = book.kinds[s] == (isList ? 'l' : 'o');
+                own |= isKind && ((book.needed(s) & ~there) | (book.barred(s) & there)) == 0 ? Cone.bit(s) : 0;
+            }
+            for (int i = 0; i < MOST_PARTS; i++) {
+                int part = (there >> i & 1) == 0 ? NONE : leastMade(asks[ASKS * frame + 2 + 2 * i], asks[ASKS * frame + 3 + 2 * i]);
+                if (part < 0) {
+                    continue;
+                }
+                count = isDepth ? Math.max(count, 1 + counts[2 * part]) : count + counts[2 * part];
+                size = Math.min(size + counts[2 * part + 1], MOST_SIZE);
+                for (int s = 0; s < book.count; s++) {
+                    int item = Cone.holds(own, s) ? book.below(s, i) : NONE;
+                    own &= item < 0 || Cone.holds(made[part], item) ? -1L : ~Cone.bit(s);
                 }
             }
-            int least = lowest(level, 'l');
-            int greatest = greatest(level, 'l');
-            int item = foundAt(level + 1);
-            return item < 0 ? NONE : book.add('l', item, least, greatest);
+            note(logic.joinedUp(own), count, size);
         }
 
-        private int recordSchema(int level) {
-            int all = howMany(level, 'o');
-            int musts = 0;
-            for (int label = 0; label < LABELS; label++) {
-                int there = markAt(level, label);
-                int item = there == 0 ? NONE : foundAt(level + 1);
-                if (there > 0 && item < 0) {
-                    return NONE;
+        /**
+         * Tells less of what can't be met below a bound, as long as it still can't, then raises the bound as far as it can
+         * be, and keeps that. Where a part that it hangs on can be told to cost more, that is done first.
+         */
+        private void narrow(int below, int nested) {
+            long yes = ways.coreYes;
+            long no = ways.coreNo;
+            for (int i = 0; i < 2 * MOST_SCHEMAS; i++) {
+                long bit = Cone.bit(i % MOST_SCHEMAS);
+                long lessYes = i < MOST_SCHEMAS ? yes & ~bit : yes;
+                long lessNo = i < MOST_SCHEMAS ? no : no & ~bit;
+                boolean goesOn = (lessYes | lessNo) != 0 && (lessYes != yes || lessNo != no);
+                for (int n = 0; n <= TRIES && goesOn; n++) {
+                    if (!ways.isMet(lessYes, lessNo, below, FEW_FAILS)) {
+                        yes = ways.coreYes;
+                        no = ways.coreNo;
+                        goesOn = false;
+                    } else {
+                        goesOn = !ways.isUnsure && nested < NESTED && n < TRIES && counters(nested + 1);
+                    }
                 }
-                items[level * LABELS + label] = item;
-                musts |= there == all ? 1 << label : 0;
             }
-            int made = book.add('o', 1, 0, 0);
-            for (int label = 0; label < LABELS && made >= 0; label++) {
-                int item = items[level * LABELS + label];
-                if (item >= 0) {
-                    book.tell(made, label, item, (musts >> label & 1) == 1);
-                }
+            int bound = below;
+            if (!ways.isMet(yes, no, HUGE, FEW_FAILS)) {
+                bound = ENDLESS;
             }
-            return made;
+            int most = nested > 0 ? below + RISE : isDepth ? HUGE : MOST_SIZE;
+            int step = 1;
+            boolean rises = true;
+            for (int i = 0; i < Long.SIZE && step > 0 && bound < ENDLESS; i++) {
+                boolean isRaised = bound + step <= most && !ways.isMet(yes, no, bound + step, FEW_FAILS);
+                bound += isRaised ? step : 0;
+                rises &= isRaised;
+                step = rises ? 2 * step : step / 2;
+            }
+            learn(yes, no, bound);
         }
 
-        /** Marks what is at a label of the marked records, a level below; returns how many have it. */
-        private int markAt(int level, int label) {
-            clearLevel(level + 1);
-            int there = 0;
-            for (int v = 0; v < pool.count; v++) {
-                if (isMarked(level, v, 'o') && pool.at(v, label) >= 0) {
-                    mark(level + 1, pool.at(v, label));
-                    there++;
+        /** Looks for a part, of those that were found just now, that costs more than is known; tells whether there is one. */
+        private boolean counters(int nested) {
+            ways.lift();
+            int there = ways.there;
+            int from = 2 * MOST_PARTS * nested;
+            System.arraycopy(ways.needs, 0, needs, from, 2 * MOST_PARTS);
+            for (int i = 0; i < MOST_PARTS; i++) {
+                long yes = needs[from + i];
+                long no = needs[from + MOST_PARTS + i];
+                int bound = (there >> i & 1) == 1 ? boundOf(yes, no) : 0;
+                if (bound < LEAST_DEEP || bound >= HUGE) {
+                    continue;
+                }
+                int known = leastMade(yes, no);
+                if ((known < 0 || counts[2 * known] > bound) && !ways.isMet(yes, no, bound + 1, FEW_FAILS)) {
+                    narrow(bound + 1, nested);
+                    return true;
                 }
             }
-            return there;
+            return false;
+        }
+
+        /** Keeps what no deep value counts less than that is of all these and of none of those; forgets what follows from it. */
+        private void learn(long yes, long no, int bound) {
+            int kept = 0;
+            for (int i = 0; i < factCount; i++) {
+                boolean follows = bounds[i] <= bound && ((yes & ~facts[2 * i]) | (no & ~facts[2 * i + 1])) == 0;
+                levels[Math.min(bounds[i], MOST_LEVELS - 1)] -= follows ? 1 : 0;
+                facts[2 * kept] = facts[2 * i];
+                facts[2 * kept + 1] = facts[2 * i + 1];
+                bounds[kept] = bounds[i];
+                kept += follows ? 0 : 1;
+            }
+            factCount = kept;
+            isStuck |= factCount >= MOST_FACTS;
+            if (isStuck) {
+                return;
+            }
+            facts[2 * kept] = yes;
+            facts[2 * kept + 1] = no;
+            bounds[kept] = bound;
+            factCount++;
+            levels[Math.min(bound, MOST_LEVELS - 1)]++;
+            ways.tellCost(yes, no, bound);
+            if (isDepth) {
+                findEndless();
+            }
+        }
+
+        /**
+         * If no fact has some bound, those with greater ones stand by each other alone: a value that is the least deep of
+         * all that are against them would have a part that is. So there is none.
+         */
+        private void findEndless() {
+            int gap = LEAST_DEEP + 1;
+            for (int level = gap; level < MOST_LEVELS && levels[level] > 0; level++) {
+                gap = level + 1;
+            }
+            for (int i = 0; i < factCount && gap < MOST_LEVELS - 1; i++) {
+                if (bounds[i] > gap && bounds[i] < ENDLESS) {
+                    levels[Math.min(bounds[i], MOST_LEVELS - 1)]--;
+                    bounds[i] = ENDLESS;
+                    ways.tellCost(facts[2 * i], facts[2 * i + 1], ENDLESS);
+                }
+            }
         }
     }
 }
