@@ -1805,7 +1805,7 @@ public final class Formwarden {
             int made = 0;
             for (int i = 0; i < KINDS; i++) {
                 char kind = kindAt(i);
-                if (howMany(level, kind) > 0) {
+                if (countMarked(level, kind) > 0) {
                     int schema = foundFor(level, kind);
                     if (schema < 0) {
                         return NONE;
@@ -1834,7 +1834,7 @@ public final class Formwarden {
             }
         }
 
-        private int howMany(int level, char kind) {
+        private int countMarked(int level, char kind) {
             int those = 0;
             for (int v = 0; v < pool.count; v++) {
                 those += isMarked(level, v, kind) ? 1 : 0;
@@ -1903,7 +1903,7 @@ public final class Formwarden {
         }
 
         private int recordSchema(int level) {
-            int all = howMany(level, 'o');
+            int all = countMarked(level, 'o');
             int musts = 0;
             for (int label = 0; label < LABELS; label++) {
                 int there = markAt(level, label);
@@ -4048,7 +4048,7 @@ public final class Formwarden {
         static final int ENDLESS = 1 << 20;
         static final int NOTHING = -1;
         /** The most variables, and the literals that always hold and never hold. */
-        static final int MOST = 1536;
+        static final int MOST = 1600;
         static final int HOLDS = 0;
         static final int FAILS = 1;
         /** The sorts of clauses: those that must hold, and those that were learned; others are told by the part that costs. */
@@ -4103,8 +4103,11 @@ public final class Formwarden {
         /** How many clauses were looked at. */
         long work;
 
-        /** Forgets all clauses. */
-        void clear(int firstOfParts, boolean isGreatest) {
+        /** Forgets all clauses, and makes room for so many words. */
+        void clear(int firstOfParts, boolean isGreatest, int need) {
+            for (int i = 1; i < SIZES.length && words.length < need + 2 * SPARE; i++) {
+                words = new int[SIZES[i]];
+            }
             parts = firstOfParts;
             isMax = isGreatest;
             top = 0;
@@ -4352,8 +4355,13 @@ public final class Formwarden {
         /** Learns from a clause that failed, and goes back to where that tells something. */
         void learn(int failed) {
             int made = top;
-            startLook(failed);
             int at = count;
+            clock++;
+            tag = ENDLESS;
+            pending = 0;
+            // The first literal comes last.
+            words[made] = 1;
+            look(failed);
             for (int i = 0; i < MOST && pending > 0 && at > 0; i++) {
                 at--;
                 int fact = FACTS * (trail[at] >> 1);
@@ -4383,15 +4391,6 @@ public final class Formwarden {
             assign(words[made + HEAD], made);
         }
 
-        private void startLook(int failed) {
-            clock++;
-            tag = ENDLESS;
-            pending = 0;
-            // The first literal comes last.
-            words[top] = 1;
-            look(failed);
-        }
-
         /** Looks at the literals of a clause; those of levels ahead come to what is learned. */
         private void look(int ref) {
             tag = Math.min(tag, words[ref + TAG] + (words[ref + SORT] >= 0 ? 1 : 0));
@@ -4414,18 +4413,19 @@ public final class Formwarden {
 
         /** Looks for the choices that led to a clause that failed, or, if that is -1, to a literal that fails. */
         void blame(int failed, int literal) {
+            clock++;
+            words[top] = 0;
             if (failed >= 0) {
-                startLook(failed);
+                look(failed);
             } else {
-                clock++;
                 facts[FACTS * (literal >> 1) + SEEN] = clock;
             }
-            words[top] = 0;
             for (int i = count - 1; i >= 0; i--) {
                 int fact = FACTS * (trail[i] >> 1);
+                // What comes to the clause by the way is of no meaning here.
+                words[top] = 0;
                 if (facts[fact + SEEN] == clock && facts[fact + LEVEL] > 0 && facts[fact + REASON] >= 0) {
                     look(facts[fact + REASON]);
-                    words[top] = 0;
                 }
             }
         }
@@ -4498,7 +4498,8 @@ public final class Formwarden {
             gatherAround(cone);
             gatherSingles(cone);
             Arrays.fill(grounds, NONE);
-            clauses.clear(1 + BLOCKS * width + THERE, isGreatest);
+            int need = 310 * (width + 1) + 3 * width * width + MOST_PARTS * (singleCount * (7 * width + 15) + 7);
+            clauses.clear(1 + BLOCKS * width + THERE, isGreatest, need);
             clauses.open();
             for (int i = 0; i < MOST_PARTS; i++) {
                 clauses.add(other(THERE + i));
@@ -4583,7 +4584,7 @@ public final class Formwarden {
         }
 
         private int isSingle(int part, int number) {
-            return other(LACKING + MOST_PARTS * 2 * (width + 1) + part * singleCount + number);
+            return 2 * (1 + BLOCKS * width + LACKING + MOST_PARTS * 2 * (width + 1) + part * singleCount + number);
         }
 
         private int tell(int one, int two, int three) {
@@ -5124,6 +5125,7 @@ public final class Formwarden {
                     keepNeeds(frame);
                 } else {
                     narrow(bound + 1, 0);
+                    findEndless();
                     frames -= frame == 0 ? 0 : 1;
                 }
             }
@@ -5310,21 +5312,18 @@ public final class Formwarden {
             factCount++;
             levels[Math.min(bound, MOST_LEVELS - 1)]++;
             ways.tellCost(yes, no, bound);
-            if (isDepth) {
-                findEndless();
-            }
         }
 
         /**
-         * If no fact has some bound, those with greater ones stand by each other alone: a value that is the least deep of
-         * all that are against them would have a part that is. So there is none.
+         * If depth counts and no fact has some bound, those with greater ones stand by each other alone: a value that is
+         * the least deep of all that are against them would have a part that is. So there is none.
          */
         private void findEndless() {
             int gap = LEAST_DEEP + 1;
-            for (int level = gap; level < MOST_LEVELS && levels[level] > 0; level++) {
+            for (int level = gap; level < MOST_LEVELS && isDepth && levels[level] > 0; level++) {
                 gap = level + 1;
             }
-            for (int i = 0; i < factCount && gap < MOST_LEVELS - 1; i++) {
+            for (int i = 0; i < factCount && isDepth && gap < MOST_LEVELS - 1; i++) {
                 if (bounds[i] > gap && bounds[i] < ENDLESS) {
                     levels[Math.min(bounds[i], MOST_LEVELS - 1)]--;
                     bounds[i] = ENDLESS;
