@@ -4674,9 +4674,13 @@ public final class Formwarden {
             int isDeep = other(DEEP + part);
             int isList = other(DEEP_LIST + part);
             tell(isDeep ^ 1, isThere, Clauses.FAILS);
-            tell(lacks(part, Clauses.HOLDS) ^ 1, Clauses.FAILS, Clauses.FAILS);
-            for (int code = 0; code < 2 * (width + 1); code++) {
-                tell(lacks(part, code) ^ 1, isThere, Clauses.FAILS);
+            for (int j = 1; j <= width; j++) {
+                int item = book.below(schemas[j], part);
+                boolean isNest = book.kinds[schemas[j]] == 'l' || book.kinds[schemas[j]] == 'o';
+                if (isNest && item >= 0) {
+                    tell(lacks(part, codes[item]) ^ 1, isThere, Clauses.FAILS);
+                    tell(lacks(part, codes[item]) ^ 1, ofPart(part, item) ^ 1, Clauses.FAILS);
+                }
             }
             for (int j = 1; j <= width; j++) {
                 int s = schemas[j];
@@ -4684,21 +4688,15 @@ public final class Formwarden {
                 if (!Cone.holds(around[part], s)) {
                     continue;
                 }
-                tell(lacks(part, 2 * j) ^ 1, own ^ 1, Clauses.FAILS);
-                tell(lacks(part, 2 * j + 1) ^ 1, own, Clauses.FAILS);
                 if (book.kinds[s] == 'u') {
                     tellJoin(own, ofPart(part, book.firsts[s]), ofPart(part, book.seconds[s]));
                 } else if (book.kinds[s] == '&') {
                     tellJoin(own ^ 1, ofPart(part, book.firsts[s]) ^ 1, ofPart(part, book.seconds[s]) ^ 1);
-                } else {
-                    for (int kind = Logic.LISTS; kind <= Logic.RECORDS; kind++) {
-                        int isOther = kind == Logic.LISTS ? isList ^ 1 : isList;
-                        clauses.open();
-                        clauses.add(isDeep ^ 1);
-                        clauses.add(isOther);
-                        clauses.add(Cone.holds(logic.nevers[kind], s) ? own ^ 1 : Cone.holds(logic.alwayses[kind], s) ? own : Clauses.HOLDS);
-                        clauses.close(Clauses.ENDLESS, Clauses.KEPT);
-                    }
+                }
+                for (int kind = Logic.EITHER; kind <= Logic.RECORDS; kind++) {
+                    int unless = kind == Logic.EITHER ? Clauses.FAILS : kind == Logic.LISTS ? isList ^ 1 : isList;
+                    boolean isNever = Cone.holds(logic.nevers[kind], s);
+                    tell(isDeep ^ 1, unless, isNever ? own ^ 1 : Cone.holds(logic.alwayses[kind], s) ? own : Clauses.HOLDS);
                 }
             }
         }
@@ -4845,13 +4843,14 @@ public final class Formwarden {
                 choice = values[other(THERE + i)] == 0 ? other(THERE + i) ^ 1 : NONE;
             }
             for (int i = 0; i < MOST_PARTS && choice < 0; i++) {
-                if (values[other(THERE + i)] > 0 && values[other(DEEP + i)] == 0) {
-                    for (int j = 0; j < singleCount; j++) {
-                        int single = isSingle(i, j);
-                        boolean isBetter = choice < 0 || seen(single) > seen(choice);
-                        choice = values[single] == 0 && isBetter ? single : choice;
-                    }
+                boolean isSettled = values[other(THERE + i)] <= 0 || values[other(DEEP + i)] > 0;
+                for (int j = 0; j < singleCount && !isSettled; j++) {
+                    int single = isSingle(i, j);
+                    boolean isBetter = choice < 0 || seen(single) > seen(choice);
+                    choice = values[single] == 0 && isBetter ? single : choice;
+                    isSettled = values[single] > 0;
                 }
+                choice = isSettled ? NONE : choice;
             }
             return choice;
         }
@@ -5122,7 +5121,7 @@ public final class Formwarden {
                 } else if (ways.isMet(yes, no, bound + 1, MANY_FAILS)) {
                     isStuck |= ways.isUnsure;
                     ways.lift();
-                    keepNeeds(frame);
+                    keepNeeds(frame, bound);
                 } else {
                     narrow(bound + 1, 0);
                     findEndless();
@@ -5162,15 +5161,28 @@ public final class Formwarden {
             return least;
         }
 
-        /** Keeps what was found of the parts of a frame, and what they cost at least. */
-        private void keepNeeds(int frame) {
+        /**
+         * Keeps what was found of the parts of a frame, and what they cost at least. If it is seen that this is too much,
+         * though the clauses did not tell, they are told now.
+         */
+        private void keepNeeds(int frame, int bound) {
+            int total = 1;
             states[STATES * frame] = ways.there | (ways.isList() ? IS_LIST : 0);
             for (int i = 0; i < MOST_PARTS; i++) {
                 long yes = ways.needs[i];
                 long no = ways.needs[MOST_PARTS + i];
+                int cost = (ways.there >> i & 1) == 1 ? boundOf(yes, no) : 0;
                 asks[ASKS * frame + 2 + 2 * i] = yes;
                 asks[ASKS * frame + 3 + 2 * i] = no;
-                states[STATES * frame + 1 + i] = (ways.there >> i & 1) == 1 ? boundOf(yes, no) : 0;
+                states[STATES * frame + 1 + i] = cost;
+                total = isDepth ? Math.max(total, 1 + cost) : total + cost;
+            }
+            for (int i = 0; i < MOST_PARTS && total > bound; i++) {
+                int cost = states[STATES * frame + 1 + i];
+                states[STATES * frame] = NONE;
+                if (cost > LEAST_DEEP) {
+                    learn(asks[ASKS * frame + 2 + 2 * i], asks[ASKS * frame + 3 + 2 * i], cost);
+                }
             }
         }
 
@@ -5218,6 +5230,7 @@ public final class Formwarden {
             for (int i = 0; i < MOST_PARTS; i++) {
                 int part = (there >> i & 1) == 0 ? NONE : leastMade(asks[ASKS * frame + 2 + 2 * i], asks[ASKS * frame + 3 + 2 * i]);
                 if (part < 0) {
+                    // All parts that are there were made.
                     continue;
                 }
                 count = isDepth ? Math.max(count, 1 + counts[2 * part]) : count + counts[2 * part];
@@ -5278,8 +5291,12 @@ public final class Formwarden {
                 long yes = needs[from + i];
                 long no = needs[from + MOST_PARTS + i];
                 int bound = (there >> i & 1) == 1 ? boundOf(yes, no) : 0;
-                if (bound < LEAST_DEEP || bound >= HUGE) {
+                if (bound < LEAST_DEEP) {
                     continue;
+                }
+                if (bound >= HUGE) {
+                    learn(yes, no, ENDLESS);
+                    return true;
                 }
                 int known = leastMade(yes, no);
                 if ((known < 0 || counts[2 * known] > bound) && !ways.isMet(yes, no, bound + 1, FEW_FAILS)) {
