@@ -19,27 +19,26 @@ public final class Formwarden {
     private static final int NONE = -1;
 
     /** The ways to find the smallest value, each in some turns, and in which order they are taken: short ones first. */
-    private static final int TURNS = 4;
+    private static final int TURNS = 5;
     private static final int UP = 0;
     private static final int DEPTHS = TURNS;
     private static final int SIZES = 2 * TURNS;
     private static final int ANY_SIZE = 3 * TURNS;
     private static final int[] STEPS = {UP, DEPTHS, SIZES, DEPTHS + 1, SIZES + 1, UP + 1, ANY_SIZE + 1, DEPTHS + 2, SIZES + 2,
-        UP + 2, ANY_SIZE + 2, DEPTHS + 3, SIZES + 3};
+        UP + 2, ANY_SIZE + 2, UP + 3, ANY_SIZE + 3, DEPTHS + 3, SIZES + 3, UP + 4, ANY_SIZE + 4, DEPTHS + 4, SIZES + 4};
     private static final int SHORT_STEPS = 7;
     /** How many rows a table may have on the way up, and how much may be spent on joining them, for one size or any. */
-    private static final int[] ROWS = {512, 1 << 20, 1 << 26};
-    private static final long[] PAIRS = {3200000, 240000000, 6000000000L};
-    private static final long[] PAIRS_ANY = {0, 80000000, 6000000000L};
+    private static final int[] ROWS = {512, 1 << 20, 1 << 26, 1 << 26, 1 << 26};
+    private static final long[] PAIRS = {3200000, 240000000, 6000000000L, 40000000000L, 400000000000L};
+    private static final long[] PAIRS_ANY = {0, 80000000, 6000000000L, 40000000000L, 600000000000L};
     private static final int MOST_ROWS_THIN = 8192;
     private static final int ROWS_OF_SIZE = 200;
     private static final long PAIRS_THIN = 80000000;
     /** How many clauses may be looked at on the way down. */
-    private static final long[] LOOKS = {3000000, 30000000, 300000000, 3000000000L};
-    /** How much the turns that are not short may take in all, and what pairs of rows and looks count. */
-    private static final int PATIENCE = 60000000;
-    private static final int PAIRS_A_QUESTION = 1024;
-    private static final int LOOKS_A_QUESTION = 256;
+    private static final long[] LOOKS = {3000000, 30000000, 300000000, 3000000000L, 12000000000L};
+    /** How much the turns that are not short may take in all, told in pairs of rows, and how much a look counts. */
+    private static final long PATIENCE = 4000000000000L;
+    private static final int PAIRS_A_LOOK = 24;
     private static final int UNKNOWN = -1;
     private static final int UNSURE = 1 << 16;
 
@@ -61,7 +60,7 @@ public final class Formwarden {
     private final int[] answers = new int[MOST_SCHEMAS * (MOST_SCHEMAS + 1)];
     private int edition = UNKNOWN;
     /** Of many hard questions the later ones get less time, so that a run comes to its end. */
-    private int patience = PATIENCE;
+    private long patience = PATIENCE;
     /** No answer is smaller than this; whether there is one, perhaps of a size that is not known; whether that is settled. */
     private int lower;
     private boolean isThere;
@@ -439,7 +438,7 @@ public final class Formwarden {
                     lower = Math.max(lower, Math.min(sizes.lower, MOST_SIZE));
                     isSure = sizes.lower >= Prover.ENDLESS;
                 }
-                patience -= turn > 1 ? (int) ((ways.clauses.work - work) / LOOKS_A_QUESTION) : 0;
+                patience -= turn > 1 ? PAIRS_A_LOOK * (ways.clauses.work - work) : 0;
                 // Greater ones all count the same.
                 found = isThere && lower >= MOST_SIZE ? MOST_SIZE : found;
                 isSure |= found <= lower;
@@ -491,19 +490,17 @@ public final class Formwarden {
         climb.ask(must, mustNot, 1);
         int size = climb.find(known);
         int found = climb.isAnySize ? known : Math.min(known, size);
-        long pairs = most - climb.pairs;
+        patience -= turn > 1 ? most - climb.pairs : 0;
         lower = Math.max(lower, climb.floor);
         isThere |= size < Prover.ENDLESS;
         isSure = found <= lower || (climb.isSure && (!climb.isAnySize || size == Prover.ENDLESS));
         climb.arrange();
-        if (!isSure && found == Prover.ENDLESS && turn > 0) {
+        if (!isSure && found == Prover.ENDLESS && turn == 1) {
             climb.allow(MOST_ROWS_THIN, PAIRS_THIN);
             climb.thinOut(ROWS_OF_SIZE);
             climb.ask(must, mustNot, 1);
             found = climb.find(found);
-            pairs += PAIRS_THIN - climb.pairs;
         }
-        patience -= turn > 1 ? (int) (pairs / PAIRS_A_QUESTION) : 0;
         return found;
     }
 
@@ -517,7 +514,7 @@ public final class Formwarden {
         climb.ask(must, mustNot, 1);
         isThere = climb.find(Prover.ENDLESS) < Prover.ENDLESS;
         isSure = climb.isSure && !isThere;
-        patience -= turn > 1 ? (int) ((PAIRS_ANY[turn] - climb.pairs) / PAIRS_A_QUESTION) : 0;
+        patience -= turn > 1 ? PAIRS_ANY[turn] - climb.pairs : 0;
     }
 
     private void needValue(int value) {
