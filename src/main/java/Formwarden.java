@@ -24,8 +24,8 @@ public final class Formwarden {
     private static final int DEPTHS = TURNS;
     private static final int SIZES = 2 * TURNS;
     private static final int ANY_SIZE = 3 * TURNS;
-    private static final int[] STEPS = {UP, DEPTHS, SIZES, DEPTHS + 1, SIZES + 1, UP + 1, ANY_SIZE + 1, DEPTHS + 2, SIZES + 2,
-        UP + 2, ANY_SIZE + 2, UP + 3, ANY_SIZE + 3, DEPTHS + 3, SIZES + 3, UP + 4, ANY_SIZE + 4, DEPTHS + 4, SIZES + 4};
+    private static final int[] STEPS = {UP, DEPTHS, SIZES, UP + 1, DEPTHS + 1, SIZES + 1, ANY_SIZE + 1, DEPTHS + 2, SIZES + 2,
+        UP + 2, ANY_SIZE + 2, UP + 3, ANY_SIZE + 3, DEPTHS + 3, SIZES + 3, DEPTHS + 4, SIZES + 4, UP + 4, ANY_SIZE + 4};
     private static final int SHORT_STEPS = 7;
     /** How many rows a table may have on the way up, and how much may be spent on joining them, for one size or any. */
     private static final int[] ROWS = {512, 1 << 20, 1 << 26, 1 << 26, 1 << 26};
@@ -469,6 +469,8 @@ public final class Formwarden {
         edition = book.edition;
         plain.becomePlain(book);
         logic.prepare();
+        depths.forget();
+        sizes.forget();
     }
 
     /** Starts all ways with a question. */
@@ -5029,28 +5031,38 @@ public final class Formwarden {
             this.isDepth = isDepth;
         }
 
-        /** Starts with a question for a value of these and not of those. */
-        void start(long must, long mustNot) {
-            cone = must | mustNot;
-            long before = 0;
-            for (int pass = 0; pass < MOST_SCHEMAS && cone != before; pass++) {
-                before = cone;
-                for (int s = 0; s < book.count; s++) {
-                    cone |= Cone.holds(before, s) ? book.joined(s) | book.nested(s) : 0;
-                }
-            }
+        /** Forgets all that was learned and made, for schemas are not as they were. */
+        void forget() {
             Arrays.fill(levels, 0);
+            cone = 0;
             factCount = 0;
             madeCount = 0;
+        }
+
+        /** Starts with a question for a value of these and not of those; what was learned for others holds for it, too. */
+        void start(long must, long mustNot) {
+            long all = must | mustNot;
+            long before = 0;
+            for (int pass = 0; pass < MOST_SCHEMAS && all != before; pass++) {
+                before = all;
+                for (int s = 0; s < book.count; s++) {
+                    all |= Cone.holds(before, s) ? book.joined(s) | book.nested(s) : 0;
+                }
+            }
+            isStuck = false;
+            // Facts that stand by each other can't be told without some of them.
+            if ((cone & ~all) != 0 || factCount > MOST_FACTS / 2 || madeCount > MOST_MADE / 2) {
+                forget();
+            }
+            for (int i = 0; i < logic.singleCount && cone == 0; i++) {
+                note(logic.singles[i], 1, 1);
+            }
+            cone = all;
             frames = 0;
             push(must, mustNot);
             lower = 1;
             found = ENDLESS;
             isDone = false;
-            isStuck = false;
-            for (int i = 0; i < logic.singleCount; i++) {
-                note(logic.singles[i], 1, 1);
-            }
         }
 
         /** Takes over what another one knows to have no values. */
