@@ -489,7 +489,7 @@ public final class Formwarden {
     private int up(long must, long mustNot, int known, int turn) {
         long most = PAIRS[turn];
         climb.allow(ROWS[turn], most);
-        climb.ask(must, mustNot, 1);
+        climb.ask(must, mustNot);
         int size = climb.find(known);
         int found = climb.isAnySize ? known : Math.min(known, size);
         patience -= turn > 1 ? most - climb.pairs : 0;
@@ -500,7 +500,7 @@ public final class Formwarden {
         if (!isSure && found == Prover.ENDLESS && turn == 1) {
             climb.allow(MOST_ROWS_THIN, PAIRS_THIN);
             climb.thinOut(ROWS_OF_SIZE);
-            climb.ask(must, mustNot, 1);
+            climb.ask(must, mustNot);
             found = climb.find(found);
         }
         return found;
@@ -513,7 +513,7 @@ public final class Formwarden {
         }
         climb.allow(ROWS[turn], PAIRS_ANY[turn]);
         climb.leaveSizes();
-        climb.ask(must, mustNot, 1);
+        climb.ask(must, mustNot);
         isThere = climb.find(Prover.ENDLESS) < Prover.ENDLESS;
         isSure = climb.isSure && !isThere;
         patience -= turn > 1 ? PAIRS_ANY[turn] - climb.pairs : 0;
@@ -1947,14 +1947,12 @@ public final class Formwarden {
         private static final int SECOND = 12;
         private static final int SIDES_TURNED = 18;
         private static final int TURNED = 19;
-        /** What is without a part counts as being of one more record schema. */
-        private static final int PARTLESS = MOST_SCHEMAS + 2;
 
         private final Schemas book;
         private final int[] joins = new int[MOST_SCHEMAS];
         private final int[] leaves = new int[MOST_SCHEMAS];
         private final int[] lists = new int[MOST_SCHEMAS];
-        private final int[] records = new int[MOST_SCHEMAS + 1];
+        private final int[] records = new int[MOST_SCHEMAS];
         /** For each label: the schemas of which a value there can be or not be, each once, and the record schemas that hang on it. */
         private final int[] items = new int[LABELS * MOST_SCHEMAS];
         private final long[] holders = new long[LABELS * MOST_SCHEMAS];
@@ -1988,10 +1986,10 @@ public final class Formwarden {
         }
 
         /** Gathers what tells of how many of the first ones, and how few of the others, a value is. */
-        void prepare(long helpful, long harmful, boolean mindsParts) {
+        void prepare(long helpful, long harmful) {
             long all = bit(MOST_SCHEMAS) - 1 & ~(book.always | book.never);
             rising = helpful & all;
-            falling = harmful & all | (mindsParts ? Logic.PARTLESS : 0);
+            falling = harmful & all;
             around = rising | falling;
             sortAll();
         }
@@ -2007,10 +2005,6 @@ public final class Formwarden {
                 if (holds(around, s)) {
                     sort(s);
                 }
-            }
-            if (holds(around, PARTLESS)) {
-                records[recordCount] = PARTLESS;
-                recordCount++;
             }
             for (int length = 0; length <= MOST_PARTS; length++) {
                 sortLength(length);
@@ -2074,7 +2068,7 @@ public final class Formwarden {
             for (int i = 0; i < recordCount; i++) {
                 int s = records[i];
                 int item = book.itemAt(s, label);
-                boolean takesAll = item < 0 ? s != PARTLESS && !book.isClosed(s) : holds(book.always, item);
+                boolean takesAll = item < 0 ? !book.isClosed(s) : holds(book.always, item);
                 lenient[label] |= takesAll ? 1L << i : 0;
                 lacking[label] |= book.mustHave(s, label) ? 0 : 1L << i;
                 if (item >= 0 && !holds(book.always | book.never, item)) {
@@ -2274,10 +2268,6 @@ public final class Formwarden {
         static final int EITHER = 0;
         static final int LISTS = 1;
         static final int RECORDS = 2;
-        /** Three bits behind the schemas: to be a list, to be a record, and to be without a part. */
-        static final long LIST = 1L << MOST_SCHEMAS;
-        static final long RECORD = 2L << MOST_SCHEMAS;
-        static final long PARTLESS = 4L << MOST_SCHEMAS;
         private static final int ATOMS = 0;
         private static final int JOINS = 1;
         private static final int UNIONS = 2;
@@ -2322,7 +2312,7 @@ public final class Formwarden {
 
         /** Gets ready for the schemas as they are. */
         void prepare() {
-            cone.prepare(-1L, -1L, false);
+            cone.prepare(-1L, -1L);
             addSingles();
             Arrays.fill(groups, 0);
             Arrays.fill(shut, 0);
@@ -2330,10 +2320,6 @@ public final class Formwarden {
             Arrays.fill(minding, 0);
             Arrays.fill(nevers, book.never);
             Arrays.fill(alwayses, book.always);
-            nevers[LISTS] |= RECORD;
-            nevers[RECORDS] |= LIST;
-            alwayses[LISTS] |= LIST;
-            alwayses[RECORDS] |= RECORD;
             for (int i = 0; i < book.count; i++) {
                 int s = book.order[i];
                 follow(s);
@@ -2648,14 +2634,6 @@ public final class Formwarden {
                 open &= ~((decided >> book.firsts[s] & 1 | decided >> book.seconds[s] & 1) << s);
             }
             return open;
-        }
-
-        /** Leaves only what all else follows from for a list or a record that is not empty. */
-        void trim(int kind) {
-            long unions = undecided(yes & groups[UNIONS], yes | alwayses[kind]);
-            long meets = undecided(no & groups[MEETS], no | nevers[kind]);
-            yes = (those() & ~alwayses[kind]) | unions;
-            no = (others() & ~nevers[kind]) | (no & (LIST | RECORD)) | meets;
         }
     }
 
@@ -3226,7 +3204,6 @@ public final class Formwarden {
         private final long[] mayNots = new long[ROOT + 1];
         private final boolean[] isFresh = new boolean[ROOT + 1];
         private final int[] counts = new int[PLACES];
-        private boolean isPartlessOut;
         private long want;
         private long miss;
         private long may;
@@ -3244,11 +3221,10 @@ public final class Formwarden {
             this.logic = logic;
         }
 
-        /** Starts with a value, which perhaps is not to be of size 1, that must be of all these and of none of those. */
-        void start(long must, long mustNot, boolean noSingle) {
+        /** Starts with a value that must be of all these and of none of those. */
+        void start(long must, long mustNot) {
             Arrays.fill(counts, 0);
             Arrays.fill(isFresh, false);
-            isPartlessOut = noSingle;
             singles = 0;
             wants[ROOT] = must;
             misses[ROOT] = mustNot;
@@ -3288,8 +3264,7 @@ public final class Formwarden {
             fresh--;
             for (int place = 0; place < PLACES; place++) {
                 long told = (mays[at] & logic.needing[place]) | (mayNots[at] & logic.minding[place]);
-                // A value that must not be without a part can need one for which nothing else asks.
-                if (told == 0 && !(at == ROOT && isPartlessOut)) {
+                if (told == 0) {
                     continue;
                 }
                 want = -1L;
@@ -3542,7 +3517,6 @@ public final class Formwarden {
         private final int[] done = new int[2 * JOINS];
         private long must;
         private long mustNot;
-        private int least;
         private int best;
         private int largest;
         /** Whether it is only asked whether there is an answer, or no more than that can be told. */
@@ -3612,20 +3586,19 @@ public final class Formwarden {
             isAnySize = true;
         }
 
-        /** Asks for a value of all these and of none of those, of this size or a greater one. */
-        void ask(long ofAll, long ofNone, int leastSize) {
+        /** Asks for a value of all these and of none of those. */
+        void ask(long ofAll, long ofNone) {
             must = ofAll;
-            least = leastSize;
-            mustNot = least > 1 ? ofNone | Logic.PARTLESS : ofNone;
+            mustNot = ofNone;
             best = ENDLESS;
             largest = 0;
             floor = 1;
-            demands.start(ofAll, ofNone, least > 1);
+            demands.start(ofAll, ofNone);
             for (int i = 0; i < Demands.MOST_SPREADS && demands.fresh > 0; i++) {
                 demands.spread();
             }
             demands.end();
-            cone.prepare(demands.helpful, demands.harmful, least > 1);
+            cone.prepare(demands.helpful, demands.harmful);
             startTables();
             startJoins();
         }
@@ -3724,36 +3697,36 @@ public final class Formwarden {
             others[THREES] = tables[TWOS];
             ones[FOURS] = tables[TWOS];
             others[FOURS] = tables[TWOS];
-            Arrays.fill(idle, isUseless(cone.ofRecords((1L << cone.recordWidth()) - 1), Logic.RECORD));
+            Arrays.fill(idle, isUseless(cone.ofRecords((1L << cone.recordWidth()) - 1)));
             for (int length = 1; length <= MOST_PARTS; length++) {
-                idle[length < 3 ? JOINS + length : length] = isUseless(cone.ofLists(cone.taking(length)), Logic.LIST);
+                idle[length < 3 ? JOINS + length : length] = isUseless(cone.ofLists(cone.taking(length)));
             }
             room.need = 0;
             idle[PAIRS] = idle[JOINS + 2] && idle[THREES] && idle[FOURS];
         }
 
         private void addLeaves() {
-            add(cone.ofLeaf('z', 0), 1, 0);
-            add(cone.ofLeaf('b', 0), 1, 0);
+            add(cone.ofLeaf('z', 0), 1);
+            add(cone.ofLeaf('b', 0), 1);
             for (int symbol = 0; symbol <= 9; symbol++) {
-                add(cone.ofLeaf('s', symbol), 1, 0);
+                add(cone.ofLeaf('s', symbol), 1);
             }
             for (int i = 0; i < cone.breaks(); i++) {
-                add(cone.ofLeaf('n', cone.breakAt(i)), 1, 0);
+                add(cone.ofLeaf('n', cone.breakAt(i)), 1);
             }
-            add(cone.ofLists(cone.taking(0)), 1, Logic.LIST);
+            add(cone.ofLists(cone.taking(0)), 1);
             long empty = cone.withoutLabel(0) & cone.withoutLabel(1) & cone.withoutLabel(2) & cone.withoutLabel(3);
-            add(cone.ofRecords(empty), 1, Logic.RECORD);
+            add(cone.ofRecords(empty), 1);
         }
 
         /** Takes in a value by the schemas of its own kind; returns whether it is a new part for others. */
-        private boolean add(long own, int size, long kind) {
+        private boolean add(long own, int size) {
             long bits = cone.joinedUp(own);
-            if (size >= least && (must & ~bits) == 0 && (mustNot & (bits | kind)) == 0) {
+            if ((must & ~bits) == 0 && (mustNot & bits) == 0) {
                 best = Math.min(best, size);
                 return false;
             }
-            int places = size < least ? -1 : size == 1 ? demands.singles : 0;
+            int places = size == 1 ? demands.singles : 0;
             boolean isPart = (places >> IN_LIST & 1) == 1 || demands.serves(IN_LIST, bits);
             boolean isNew = isPart && tables[ONES].insert(cone.asPart(bits));
             for (int label = 0; label < LABELS; label++) {
@@ -3767,10 +3740,10 @@ public final class Formwarden {
         }
 
         /** Whether no value that is of some of these schemas, and no others of its kind, can be an answer or a part of one. */
-        private boolean isUseless(long own, long kind) {
+        private boolean isUseless(long own) {
             long most = cone.bound(own, true);
             long lowest = cone.bound(own, false);
-            return !demands.canServe(most, lowest | kind);
+            return !demands.canServe(most, lowest);
         }
 
         private void addRange(int from, int to, int otherFrom, int otherTo) {
@@ -3949,7 +3922,7 @@ public final class Formwarden {
                         pairs -= loaded + PRICE * found;
                         for (int k = 0; k < found && best == ENDLESS; k++) {
                             long own = isRecord ? cone.ofRecords(room.fresh[k]) : cone.ofLists(room.fresh[k]);
-                            changed |= add(own, size, isRecord ? Logic.RECORD : Logic.LIST);
+                            changed |= add(own, size);
                         }
                     }
                 }
@@ -3989,7 +3962,7 @@ public final class Formwarden {
                         int found = room.sift(key, loaded, Logic.RECORDS);
                         pairs -= loaded + PRICE * found;
                         for (int k = 0; k < found && best == ENDLESS; k++) {
-                            changed |= add(cone.ofRecords(room.fresh[k]), MOST_SIZE, Logic.RECORD);
+                            changed |= add(cone.ofRecords(room.fresh[k]), MOST_SIZE);
                         }
                     }
                 }
@@ -4006,7 +3979,7 @@ public final class Formwarden {
                 for (int i = table.fed; i < end && best == ENDLESS && !idle[JOINS + length]; i++) {
                     room.lane[0] = table.keyAt(i) & cone.taking(length);
                     if (room.sift(-1L, 1, Logic.LISTS) == 1) {
-                        changed |= add(cone.ofLists(room.fresh[0]), size, Logic.LIST);
+                        changed |= add(cone.ofLists(room.fresh[0]), size);
                     }
                 }
                 table.fed = end;
