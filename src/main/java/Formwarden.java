@@ -24,9 +24,10 @@ public final class Formwarden {
     private static final int DEPTHS = TURNS;
     private static final int SIZES = 2 * TURNS;
     private static final int ANY_SIZE = 3 * TURNS;
-    private static final int[] STEPS = {UP, DEPTHS, SIZES, UP + 1, DEPTHS + 1, SIZES + 1, ANY_SIZE + 1, DEPTHS + 2, SIZES + 2,
-        UP + 2, ANY_SIZE + 2, UP + 3, ANY_SIZE + 3, DEPTHS + 3, SIZES + 3, DEPTHS + 4, SIZES + 4, UP + 4, ANY_SIZE + 4};
-    private static final int SHORT_STEPS = 7;
+    private static final int THIN = 4 * TURNS;
+    private static final int[] STEPS = {UP, DEPTHS, SIZES, UP + 1, SIZES + 1, THIN, DEPTHS + 1, ANY_SIZE + 1, UP + 2, SIZES + 2,
+        DEPTHS + 2, ANY_SIZE + 2, UP + 3, SIZES + 3, DEPTHS + 3, ANY_SIZE + 3, UP + 4, SIZES + 4, DEPTHS + 4, ANY_SIZE + 4};
+    private static final int SHORT_STEPS = 8;
     /** How many rows a table may have on the way up, and how much may be spent on joining them, for one size or any. */
     private static final int[] ROWS = {512, 1 << 20, 1 << 26, 1 << 26, 1 << 26};
     private static final long[] PAIRS = {3200000, 240000000, 6000000000L, 40000000000L, 400000000000L};
@@ -424,6 +425,8 @@ public final class Formwarden {
                 found = made > 0 ? Math.min(found, made) : found;
                 if (way == UP) {
                     found = up(Cone.bit(first), Cone.bit(second), found, turn);
+                } else if (way == THIN && found == Prover.ENDLESS) {
+                    found = upThinned(Cone.bit(first), Cone.bit(second));
                 } else if (way == ANY_SIZE && found == Prover.ENDLESS && !isThere) {
                     seeAnySize(Cone.bit(first), Cone.bit(second), turn);
                 } else if (way == DEPTHS && found == Prover.ENDLESS) {
@@ -433,6 +436,9 @@ public final class Formwarden {
                     isSure = depths.lower >= Prover.ENDLESS;
                 } else if (way == SIZES && lower < MOST_SIZE) {
                     sizes.adopt(depths);
+                    if (turn > 0 && climb.isKept) {
+                        sizes.stand(climb);
+                    }
                     sizes.run(LOOKS[turn]);
                     found = Math.min(found, sizes.found);
                     lower = Math.max(lower, Math.min(sizes.lower, MOST_SIZE));
@@ -482,10 +488,7 @@ public final class Formwarden {
         isThere = false;
     }
 
-    /**
-     * The smallest size found on the way up, or the one known, if none is smaller. If there are too many
-     * kinds of values, some are left out, which may find an answer, though not the smallest one.
-     */
+    /** The smallest size found on the way up, or the one known, if none is smaller. */
     private int up(long must, long mustNot, int known, int turn) {
         long most = PAIRS[turn];
         climb.allow(ROWS[turn], most);
@@ -497,13 +500,15 @@ public final class Formwarden {
         isThere |= size < Prover.ENDLESS;
         isSure = found <= lower || (climb.isSure && (!climb.isAnySize || size == Prover.ENDLESS));
         climb.arrange();
-        if (!isSure && found == Prover.ENDLESS && turn == 1) {
-            climb.allow(MOST_ROWS_THIN, PAIRS_THIN);
-            climb.thinOut(ROWS_OF_SIZE);
-            climb.ask(must, mustNot);
-            found = climb.find(found);
-        }
         return found;
+    }
+
+    /** The size of some value, if one is found on the way up though of too many kinds some are left out. */
+    private int upThinned(long must, long mustNot) {
+        climb.allow(MOST_ROWS_THIN, PAIRS_THIN);
+        climb.thinOut(ROWS_OF_SIZE);
+        climb.ask(must, mustNot);
+        return climb.find(Prover.ENDLESS);
     }
 
     /** Sees on the way up whether there is an answer of any size at all. */
@@ -2208,8 +2213,17 @@ public final class Formwarden {
             return itemCounts[label];
         }
 
+        int itemAt(int label, int index) {
+            return items[label * MOST_SCHEMAS + index];
+        }
+
         int listWidth() {
             return listCount;
+        }
+
+        /** The schema for the parts of a list that one of the list schemas tells. */
+        int partOf(int index) {
+            return book.firsts[lists[index]];
         }
 
         int recordWidth() {
@@ -3166,6 +3180,31 @@ public final class Formwarden {
             }
         }
 
+        /** The first row, but for those of size 1, that has all these bits and none of those and is of a smaller size than this, or -1. */
+        int firstOf(long has, long lacks, int below) {
+            int end = behind(below);
+            for (int i = behind(2); i < end; i++) {
+                long row = room.words[chunks[i >> CHUNK_BITS] + (i & IN_CHUNK)];
+                if (((has & ~row) | (lacks & row)) == 0) {
+                    return i;
+                }
+            }
+            return NONE;
+        }
+
+        long rowAt(int place) {
+            return room.words[chunks[place >> CHUNK_BITS] + (place & IN_CHUNK)];
+        }
+
+        /** The size with which a row came. */
+        int sizeOf(int place) {
+            int size = 0;
+            for (int step = 1 << 9; step > 0; step /= 2) {
+                size += size + step <= top && starts[size + step] <= place ? step : 0;
+            }
+            return size;
+        }
+
         /** How many words of marks there are, from which all rows can be told; 0 if there are none. */
         int markWords() {
             return slotCount == 0 ? Room.marksFor(width) : 0;
@@ -3527,6 +3566,8 @@ public final class Formwarden {
         int floor;
         /** Whether the answer is the smallest size, or that there is none. */
         boolean isSure;
+        /** Whether the rows tell all parts of a size below the floor that the smallest answer can have. */
+        boolean isKept;
 
         Climb(Schemas book, Logic logic) {
             cone = new Cone(book);
@@ -3593,6 +3634,7 @@ public final class Formwarden {
             best = ENDLESS;
             largest = 0;
             floor = 1;
+            isKept = false;
             demands.start(ofAll, ofNone);
             for (int i = 0; i < Demands.MOST_SPREADS && demands.fresh > 0; i++) {
                 demands.spread();
@@ -3633,6 +3675,7 @@ public final class Formwarden {
             }
             boolean isEnd = goesOn && !isAnySize && size > MOST_PARTS * largest + 1;
             boolean changed = goesOn && !isEnd && (size < below || isAnySize);
+            isKept = !changed && !isThin();
             room.need = 0;
             for (int round = 0; round < MOST_ROUNDS && changed && goesOn; round++) {
                 for (int t = 0; t < INTO.length; t++) {
@@ -3655,6 +3698,7 @@ public final class Formwarden {
             }
             boolean isWhole = !isThin();
             isSure = isWhole && (isEnd || best < ENDLESS);
+
             floor = isWhole && isEnd ? ENDLESS : floor;
             return best;
         }
@@ -4001,6 +4045,30 @@ public final class Formwarden {
             return goesOn;
         }
 
+        /** Up to which size all parts at a place that the smallest answer can have are told by rows. */
+        int toldBelow(int place) {
+            return isKept && rowsAt(place).lost == 0 ? floor : 0;
+        }
+
+        /** The rows at a label, or in lists. */
+        Table rowsAt(int place) {
+            return tables[place < LABELS ? place : ONES];
+        }
+
+        /** How many schemas a row at a place tells of, and which ones these are. */
+        int itemsAt(int place) {
+            return place < LABELS ? cone.itemsAt(place) : cone.listWidth();
+        }
+
+        int itemAt(int place, int index) {
+            return place < LABELS ? cone.itemAt(place, index) : cone.partOf(index);
+        }
+
+        /** Whether rows tell for sure which values are of a schema, or else which are not. */
+        boolean tells(int schema, boolean are) {
+            return Cone.holds(are ? cone.rising : cone.falling, schema);
+        }
+
         /** Whether something was left out. */
         private boolean isThin() {
             boolean isThin = false;
@@ -4227,7 +4295,9 @@ public final class Formwarden {
                     int other = words[ref + HEAD + 1 - (link & 1)];
                     int cost = words[ref + TAG];
                     int sort = words[ref + SORT];
-                    boolean isOff = values[other] > 0 || (sort < 0 ? cost < below : isMax && 1 + cost < below);
+                    // What tells of no greater cost than is known is looked at again when less is known.
+                    boolean isOff = values[other] > 0
+                            || (sort < 0 ? cost < below : isMax ? 1 + cost < below : cost <= costs[sort]);
                     int free = isOff ? NOTHING : freeOf(ref);
                     if (free >= 0) {
                         // Another literal is watched from now on.
@@ -4722,12 +4792,15 @@ public final class Formwarden {
             }
         }
 
-        /** Tells that a list or record, if it is deep and of all these and of none of those, costs so much as a part. */
-        void tellCost(long yes, long no, int cost) {
+        /** Tells that a list or record, if it is deep and of all these and of none of those, costs so much as a part at some places. */
+        void tellCost(long yes, long no, int cost, int places) {
+            boolean isInList = (places >> IN_LIST & 1) == 1;
             for (int i = 0; i < MOST_PARTS; i++) {
-                if (((yes | no) & ~around[i]) == 0 && clauses.hasRoom()) {
+                boolean isAtLabel = (places >> i & 1) == 1;
+                if ((isAtLabel || isInList) && ((yes | no) & ~around[i]) == 0 && clauses.hasRoom()) {
                     clauses.open();
                     clauses.add(other(DEEP + i) ^ 1);
+                    clauses.add(isAtLabel == isInList ? Clauses.FAILS : isAtLabel ? other(0) : other(0) ^ 1);
                     for (int s = 0; s < book.count; s++) {
                         clauses.add(Cone.holds(yes, s) ? ofPart(i, s) ^ 1 : Clauses.FAILS);
                         clauses.add(Cone.holds(no, s) ? ofPart(i, s) : Clauses.FAILS);
@@ -4940,6 +5013,32 @@ public final class Formwarden {
         boolean isList() {
             return clauses.values[other(0)] > 0;
         }
+
+        /** The bits that a row at a place must have, or else those that it must not have, for a part of these and not of those. */
+        long rowOf(Climb ground, int place, long these, long those, boolean has) {
+            long row = 0;
+            for (int i = 0; i < ground.itemsAt(place); i++) {
+                int item = ground.itemAt(place, i);
+                int code = codes[item];
+                boolean isPlain = (code & 1) == 0 == has;
+                boolean isAsked = code > Clauses.FAILS && Cone.holds(isPlain ? these : those, schemas[code >> 1]);
+                row |= isAsked && ground.tells(item, has) ? 1L << i : 0;
+            }
+            return row;
+        }
+
+        /** The schemas that a part is of, or else those that it is not of, as far as a row at its place tells. */
+        long toldBy(Climb ground, int place, long row, boolean are) {
+            long those = 0;
+            for (int i = 0; i < ground.itemsAt(place); i++) {
+                int item = ground.itemAt(place, i);
+                int code = codes[item];
+                boolean has = (row >> i & 1) == 1;
+                boolean isTold = code > Clauses.FAILS && ground.tells(item, has) && ((code & 1) == 0 == has) == are;
+                those |= isTold ? Cone.bit(schemas[code >> 1]) : 0;
+            }
+            return those;
+        }
     }
 
     /**
@@ -4965,26 +5064,34 @@ public final class Formwarden {
         private static final int FEW_FAILS = 1000;
         private static final int MANY_FAILS = 100000;
         private static final int RISE = 20;
-        /** Of a frame: what is asked for, and what was found of the parts; the shape (or -1) and what parts cost at least. */
+        /** Of a frame: what is asked for, and what was found of the parts; the shape (or -1), what parts cost at least, the place. */
         private static final int ASKS = 2 + 2 * MOST_PARTS;
-        private static final int STATES = 1 + MOST_PARTS;
+        private static final int STATES = 2 + MOST_PARTS;
+        private static final int PLACE = 1 + MOST_PARTS;
         private static final int IS_LIST = 1 << MOST_PARTS;
+        /** Of a fact: of which and not of which schemas, and what it counts and for which places. */
+        private static final int FACT = 3;
+        private static final int WHERE = 32;
+        /** Where the question itself stands, and all places with it. */
+        private static final int ROOT = PLACES;
+        private static final int EVERYWHERE = (2 << PLACES) - 1;
 
         private final Schemas book;
         private final Logic logic;
         private final Ways ways;
         private final boolean isDepth;
         private long cone;
-        /** For some schemas, and some others, what no deep value counts less than that is of these and not of those. */
-        private final long[] facts = new long[2 * MOST_FACTS];
-        private final int[] bounds = new int[MOST_FACTS];
+        /** For some schemas, and some others, what no deep part at some places counts less than that is of these and not of those. */
+        private final long[] facts = new long[FACT * MOST_FACTS];
         private int factCount;
         /** How many facts have each bound. */
         private final int[] levels = new int[MOST_LEVELS];
-        /** The values that were made: the schemas that they are of; what they count and their sizes. */
-        private final long[] made = new long[MOST_MADE];
+        /** The values that were made: the schemas that they are of, and those of which that is known; what they count and their sizes. */
+        private final long[] made = new long[2 * MOST_MADE];
         private final int[] counts = new int[2 * MOST_MADE];
         private int madeCount;
+        /** Where the next one is put; in the end it takes the place of an old one. */
+        private int nextMade;
         private final long[] asks = new long[ASKS * MOST_FRAMES];
         private final int[] states = new int[STATES * MOST_FRAMES];
         private int frames;
@@ -4993,9 +5100,10 @@ public final class Formwarden {
         /** No answer counts less than this; and the size of an answer, or ENDLESS. */
         int lower;
         int found;
-        /** Whether it came to its end, and whether it can't. */
-        boolean isDone;
+        /** Whether it can't come to its end. */
         boolean isStuck;
+        /** The rows of the parts that an answer of this question can have, or null. */
+        private Climb ground;
 
         Prover(Schemas book, Logic logic, Ways ways, boolean isDepth) {
             this.book = book;
@@ -5010,6 +5118,8 @@ public final class Formwarden {
             cone = 0;
             factCount = 0;
             madeCount = 0;
+            nextMade = 0;
+            ground = null;
         }
 
         /** Starts with a question for a value of these and not of those; what was learned for others holds for it, too. */
@@ -5024,51 +5134,55 @@ public final class Formwarden {
             }
             isStuck = false;
             // Facts that stand by each other can't be told without some of them.
-            if ((cone & ~all) != 0 || factCount > MOST_FACTS / 2 || madeCount > MOST_MADE / 2) {
+            boolean isFull = factCount > MOST_FACTS / 2 || madeCount > MOST_MADE / 2;
+            if ((cone & ~all) != 0 || isFull || ground != null) {
                 forget();
             }
             for (int i = 0; i < logic.singleCount && cone == 0; i++) {
-                note(logic.singles[i], 1, 1);
+                note(logic.singles[i], -1L, 1, 1);
             }
             cone = all;
             frames = 0;
-            push(must, mustNot);
+            push(must, mustNot, ROOT);
             lower = 1;
             found = ENDLESS;
-            isDone = false;
         }
 
         /** Takes over what another one knows to have no values. */
         void adopt(Prover other) {
             for (int i = 0; i < other.factCount; i++) {
-                boolean isNew = other.bounds[i] >= ENDLESS && factCount < MOST_FACTS;
+                boolean isNew = (int) other.facts[FACT * i + 2] >= ENDLESS && factCount < MOST_FACTS;
                 for (int k = 0; k < factCount && isNew; k++) {
-                    isNew = facts[2 * k] != other.facts[2 * i] || facts[2 * k + 1] != other.facts[2 * i + 1];
+                    isNew = facts[FACT * k] != other.facts[FACT * i] || facts[FACT * k + 1] != other.facts[FACT * i + 1];
                 }
                 if (isNew) {
-                    facts[2 * factCount] = other.facts[2 * i];
-                    facts[2 * factCount + 1] = other.facts[2 * i + 1];
-                    bounds[factCount] = ENDLESS;
+                    System.arraycopy(other.facts, FACT * i, facts, FACT * factCount, FACT);
                     factCount++;
                 }
             }
         }
 
-        private void push(long must, long mustNot) {
+        /** Takes the rows that were found on the way up for this question; what is learned from them holds for no other one. */
+        void stand(Climb climb) {
+            ground = climb;
+        }
+
+        private void push(long must, long mustNot, int place) {
             asks[ASKS * frames] = must;
             asks[ASKS * frames + 1] = mustNot;
             states[STATES * frames] = NONE;
+            states[STATES * frames + PLACE] = place;
             frames++;
         }
 
-        private void note(long bits, int count, int size) {
-            isStuck |= madeCount >= MOST_MADE;
-            if (!isStuck) {
-                made[madeCount] = bits;
-                counts[2 * madeCount] = count;
-                counts[2 * madeCount + 1] = size;
-                madeCount++;
-            }
+        private void note(long bits, long known, int count, int size) {
+            int place = nextMade;
+            made[2 * place] = bits;
+            made[2 * place + 1] = known;
+            counts[2 * place] = count;
+            counts[2 * place + 1] = size;
+            madeCount = Math.max(madeCount, place + 1);
+            nextMade = place + 1 < MOST_MADE ? place + 1 : logic.singleCount;
         }
 
         /** Goes on until it is settled, or so much work was done. */
@@ -5076,11 +5190,13 @@ public final class Formwarden {
             int cap = isDepth ? ENDLESS : MOST_SIZE;
             long end = ways.clauses.work + work;
             int limit = 0;
+            boolean isDone = false;
             for (int i = 0; i < MOST_STEPS && !isDone && !isStuck && ways.clauses.work < end; i++) {
                 if (ways.clauses.top >= limit) {
                     ways.build(cone, isDepth);
                     for (int k = 0; k < factCount; k++) {
-                        ways.tellCost(facts[2 * k], facts[2 * k + 1], bounds[k]);
+                        long told = facts[FACT * k + 2];
+                        ways.tellCost(facts[FACT * k], facts[FACT * k + 1], (int) told, (int) (told >> WHERE));
                     }
                     limit = Math.min(2 * ways.clauses.top + GROWTH, Clauses.MOST_WORDS / 8 * 7);
                     isStuck = ways.clauses.top > FULL;
@@ -5088,7 +5204,8 @@ public final class Formwarden {
                 int frame = frames - 1;
                 long yes = asks[ASKS * frame];
                 long no = asks[ASKS * frame + 1];
-                int bound = boundOf(yes, no);
+                int place = states[STATES * frame + PLACE];
+                int bound = boundOf(yes, no, place);
                 int known = leastMade(yes, no);
                 boolean isSettled = bound >= cap || (known >= 0 && counts[2 * known] <= bound);
                 if (frame == 0) {
@@ -5100,20 +5217,27 @@ public final class Formwarden {
                     frames -= frame == 0 ? 0 : 1;
                 } else if (states[STATES * frame] >= 0) {
                     goOn(frame);
-                } else if (ways.isMet(yes, no, bound + 1, MANY_FAILS)) {
-                    isStuck |= ways.isUnsure;
-                    ways.lift();
-                    keepNeeds(frame, bound);
-                } else {
-                    narrow(bound + 1, 0);
-                    findEndless();
-                    frames -= frame == 0 ? 0 : 1;
+                } else if (!sees(yes, no, place, bound)) {
+                    look(frame, bound);
                 }
             }
         }
 
-        /** What no value counts less than that is of all these and of none of those; ENDLESS if there is none. */
-        private int boundOf(long yes, long no) {
+        /** Looks for a way to be as a frame asks for that counts no more than a bound; if there is none, that is learned. */
+        private void look(int frame, int bound) {
+            if (ways.isMet(asks[ASKS * frame], asks[ASKS * frame + 1], bound + 1, MANY_FAILS)) {
+                isStuck |= ways.isUnsure;
+                ways.lift();
+                keepNeeds(frame, bound);
+            } else {
+                narrow(bound + 1, 0);
+                findEndless();
+                frames -= frame == 0 ? 0 : 1;
+            }
+        }
+
+        /** What no value at a place counts less than that is of all these and of none of those; ENDLESS if there is none. */
+        private int boundOf(long yes, long no, int place) {
             if (logic.hasSingle(yes, no)) {
                 return 1;
             }
@@ -5123,12 +5247,65 @@ public final class Formwarden {
                 return ENDLESS;
             }
             int bound = LEAST_DEEP;
-            for (int i = 0; i < factCount; i++) {
-                if (bounds[i] > bound && ((facts[2 * i] & ~logic.yes) | (facts[2 * i + 1] & ~logic.no)) == 0) {
-                    bound = bounds[i];
+            for (int i = 0; i < FACT * factCount; i += FACT) {
+                boolean holds = ((facts[i] & ~logic.yes) | (facts[i + 1] & ~logic.no)) == 0;
+                if (holds && (int) facts[i + 2] > bound && (facts[i + 2] >> WHERE + place & 1) == 1) {
+                    bound = (int) facts[i + 2];
                 }
             }
             return bound;
+        }
+
+        /** Looks for a part at a place among the rows that were found on the way up; returns whether that told something new. */
+        private boolean sees(long yes, long no, int place, int bound) {
+            int told = ground == null || place >= PLACES ? 0 : ground.toldBelow(place);
+            if (bound >= told) {
+                return false;
+            }
+            Table rows = ground.rowsAt(place);
+            int row = rows.firstOf(ways.rowOf(ground, place, yes, no, true), ways.rowOf(ground, place, yes, no, false), ENDLESS);
+            int size = row < 0 ? ENDLESS : rows.sizeOf(row);
+            boolean isFound = false;
+            if (row >= 0) {
+                long bits = ways.toldBy(ground, place, rows.rowAt(row), true);
+                long others = ways.toldBy(ground, place, rows.rowAt(row), false);
+                isFound = ((yes & ~bits) | (no & ~others)) == 0;
+                if (isFound) {
+                    note(bits, bits | others, size, size);
+                }
+            }
+            int least = Math.min(size, told);
+            if (least > bound) {
+                learnFromRows(yes, no, least, place);
+            }
+            return isFound || least > bound;
+        }
+
+        /** Tells less of a part that is of no smaller size than this, as far as the rows allow, and keeps that. */
+        private void learnFromRows(long must, long mustNot, int least, int place) {
+            long yes = must;
+            long no = mustNot;
+            for (int i = 0; i < 2 * MOST_SCHEMAS; i++) {
+                long bit = Cone.bit(i % MOST_SCHEMAS);
+                long lessYes = i < MOST_SCHEMAS ? yes & ~bit : yes;
+                long lessNo = i < MOST_SCHEMAS ? no : no & ~bit;
+                if ((lessYes != yes || lessNo != no) && isNoneBelow(lessYes, lessNo, least, place)) {
+                    yes = lessYes;
+                    no = lessNo;
+                }
+            }
+            int places = 1 << place;
+            for (int other = 0; other < PLACES; other++) {
+                places |= isNoneBelow(yes, no, least, other) ? 1 << other : 0;
+            }
+            learn(yes, no, least, places);
+        }
+
+        /** Whether it is known that no deep part at a place that is of all these and of none of those is smaller than this. */
+        private boolean isNoneBelow(long yes, long no, int size, int place) {
+            long has = ways.rowOf(ground, place, yes, no, true);
+            long lacks = ways.rowOf(ground, place, yes, no, false);
+            return ground.toldBelow(place) >= size && ground.rowsAt(place).firstOf(has, lacks, size) < 0;
         }
 
         /** The value that counts least of those that were made and are of all these and of none of those, or -1. */
@@ -5136,7 +5313,7 @@ public final class Formwarden {
             int least = NONE;
             for (int i = 0; i < madeCount; i++) {
                 boolean isLess = least < 0 || counts[2 * i] < counts[2 * least];
-                if (isLess && ((yes & ~made[i]) | (no & made[i])) == 0) {
+                if (isLess && ((yes & ~made[2 * i]) | (no & made[2 * i]) | ((yes | no) & ~made[2 * i + 1])) == 0) {
                     least = i;
                 }
             }
@@ -5153,7 +5330,7 @@ public final class Formwarden {
             for (int i = 0; i < MOST_PARTS; i++) {
                 long yes = ways.needs[i];
                 long no = ways.needs[MOST_PARTS + i];
-                int cost = (ways.there >> i & 1) == 1 ? boundOf(yes, no) : 0;
+                int cost = (ways.there >> i & 1) == 1 ? boundOf(yes, no, ways.isList() ? IN_LIST : i) : 0;
                 asks[ASKS * frame + 2 + 2 * i] = yes;
                 asks[ASKS * frame + 3 + 2 * i] = no;
                 states[STATES * frame + 1 + i] = cost;
@@ -5163,7 +5340,7 @@ public final class Formwarden {
                 int cost = states[STATES * frame + 1 + i];
                 states[STATES * frame] = NONE;
                 if (cost > LEAST_DEEP) {
-                    learn(asks[ASKS * frame + 2 + 2 * i], asks[ASKS * frame + 3 + 2 * i], cost);
+                    learn(asks[ASKS * frame + 2 + 2 * i], asks[ASKS * frame + 3 + 2 * i], cost, 1 << (ways.isList() ? IN_LIST : i));
                 }
             }
         }
@@ -5172,11 +5349,12 @@ public final class Formwarden {
         private void goOn(int frame) {
             int next = NONE;
             int least = ENDLESS;
+            boolean isList = (states[STATES * frame] & IS_LIST) != 0;
             for (int i = 0; i < MOST_PARTS; i++) {
                 long yes = asks[ASKS * frame + 2 + 2 * i];
                 long no = asks[ASKS * frame + 3 + 2 * i];
                 int before = states[STATES * frame + 1 + i];
-                int bound = before == 0 ? 0 : boundOf(yes, no);
+                int bound = before == 0 ? 0 : boundOf(yes, no, isList ? IN_LIST : i);
                 if (bound > before) {
                     // It costs more than was thought, so that another way may be better.
                     states[STATES * frame] = NONE;
@@ -5192,7 +5370,7 @@ public final class Formwarden {
                 make(frame);
                 states[STATES * frame] = NONE;
             } else if (frames < MOST_FRAMES) {
-                push(asks[ASKS * frame + 2 + 2 * next], asks[ASKS * frame + 3 + 2 * next]);
+                push(asks[ASKS * frame + 2 + 2 * next], asks[ASKS * frame + 3 + 2 * next], isList ? IN_LIST : next);
             } else {
                 isStuck = true;
             }
@@ -5204,6 +5382,7 @@ public final class Formwarden {
             boolean isList = (states[STATES * frame] & IS_LIST) != 0;
             int count = 1;
             int size = 1;
+            boolean isKnown = true;
             long own = 0;
             for (int s = 0; s < book.count; s++) {
                 boolean isKind = book.kinds[s] == (isList ? 'l' : 'o');
@@ -5217,12 +5396,15 @@ public final class Formwarden {
                 }
                 count = isDepth ? Math.max(count, 1 + counts[2 * part]) : count + counts[2 * part];
                 size = Math.min(size + counts[2 * part + 1], MOST_SIZE);
+                isKnown &= made[2 * part + 1] == -1L;
                 for (int s = 0; s < book.count; s++) {
                     int item = Cone.holds(own, s) ? book.below(s, i) : NONE;
-                    own &= item < 0 || Cone.holds(made[part], item) ? -1L : ~Cone.bit(s);
+                    own &= item < 0 || Cone.holds(made[2 * part], item) ? -1L : ~Cone.bit(s);
                 }
             }
-            note(logic.joinedUp(own), count, size);
+            // If not all is known of the parts, it is what was asked for.
+            long yes = asks[ASKS * frame];
+            note(isKnown ? logic.joinedUp(own) : yes, isKnown ? -1L : yes | asks[ASKS * frame + 1], count, size);
         }
 
         /**
@@ -5260,24 +5442,28 @@ public final class Formwarden {
                 rises &= isRaised;
                 step = rises ? 2 * step : step / 2;
             }
-            learn(yes, no, bound);
+            learn(yes, no, bound, EVERYWHERE);
         }
 
         /** Looks for a part, of those that were found just now, that costs more than is known; tells whether there is one. */
         private boolean counters(int nested) {
             ways.lift();
             int there = ways.there;
+            int place = ways.isList() ? IN_LIST : NONE;
             int from = 2 * MOST_PARTS * nested;
             System.arraycopy(ways.needs, 0, needs, from, 2 * MOST_PARTS);
             for (int i = 0; i < MOST_PARTS; i++) {
                 long yes = needs[from + i];
                 long no = needs[from + MOST_PARTS + i];
-                int bound = (there >> i & 1) == 1 ? boundOf(yes, no) : 0;
+                int bound = (there >> i & 1) == 1 ? boundOf(yes, no, place < 0 ? i : place) : 0;
                 if (bound < LEAST_DEEP) {
                     continue;
                 }
                 if (bound >= HUGE) {
-                    learn(yes, no, ENDLESS);
+                    learn(yes, no, ENDLESS, EVERYWHERE);
+                    return true;
+                }
+                if (sees(yes, no, place < 0 ? i : place, bound)) {
                     return true;
                 }
                 int known = leastMade(yes, no);
@@ -5289,28 +5475,28 @@ public final class Formwarden {
             return false;
         }
 
-        /** Keeps what no deep value counts less than that is of all these and of none of those; forgets what follows from it. */
-        private void learn(long yes, long no, int bound) {
+        /** Keeps what no deep part at some places counts less than that is of all these and of none of those; forgets what follows. */
+        private void learn(long yes, long no, int bound, int places) {
             int kept = 0;
-            for (int i = 0; i < factCount; i++) {
-                boolean follows = bounds[i] <= bound && ((yes & ~facts[2 * i]) | (no & ~facts[2 * i + 1])) == 0;
-                levels[Math.min(bounds[i], MOST_LEVELS - 1)] -= follows ? 1 : 0;
-                facts[2 * kept] = facts[2 * i];
-                facts[2 * kept + 1] = facts[2 * i + 1];
-                bounds[kept] = bounds[i];
-                kept += follows ? 0 : 1;
+            for (int i = 0; i < FACT * factCount; i += FACT) {
+                int other = (int) facts[i + 2];
+                boolean follows = other <= bound && ((facts[i + 2] >> WHERE) & ~places) == 0
+                        && ((yes & ~facts[i]) | (no & ~facts[i + 1])) == 0;
+                levels[Math.min(other, MOST_LEVELS - 1)] -= follows ? 1 : 0;
+                System.arraycopy(facts, i, facts, kept, FACT);
+                kept += follows ? 0 : FACT;
             }
-            factCount = kept;
+            factCount = kept / FACT;
             isStuck |= factCount >= MOST_FACTS;
             if (isStuck) {
                 return;
             }
-            facts[2 * kept] = yes;
-            facts[2 * kept + 1] = no;
-            bounds[kept] = bound;
+            facts[kept] = yes;
+            facts[kept + 1] = no;
+            facts[kept + 2] = (long) places << WHERE | bound;
             factCount++;
             levels[Math.min(bound, MOST_LEVELS - 1)]++;
-            ways.tellCost(yes, no, bound);
+            ways.tellCost(yes, no, bound, places);
         }
 
         /**
@@ -5322,11 +5508,12 @@ public final class Formwarden {
             for (int level = gap; level < MOST_LEVELS && isDepth && levels[level] > 0; level++) {
                 gap = level + 1;
             }
-            for (int i = 0; i < factCount && isDepth && gap < MOST_LEVELS - 1; i++) {
-                if (bounds[i] > gap && bounds[i] < ENDLESS) {
-                    levels[Math.min(bounds[i], MOST_LEVELS - 1)]--;
-                    bounds[i] = ENDLESS;
-                    ways.tellCost(facts[2 * i], facts[2 * i + 1], ENDLESS);
+            for (int i = 0; i < FACT * factCount && isDepth && gap < MOST_LEVELS - 1; i += FACT) {
+                int bound = (int) facts[i + 2];
+                if (bound > gap && bound < ENDLESS) {
+                    levels[Math.min(bound, MOST_LEVELS - 1)]--;
+                    facts[i + 2] = (long) EVERYWHERE << WHERE | ENDLESS;
+                    ways.tellCost(facts[i], facts[i + 1], ENDLESS, EVERYWHERE);
                 }
             }
         }
