@@ -25,7 +25,7 @@ public final class Formwarden {
     private static final int SIZES = 2 * TURNS;
     private static final int ANY_SIZE = 3 * TURNS;
     private static final int THIN = 4 * TURNS;
-    private static final int[] STEPS = {UP, DEPTHS, SIZES, UP + 1, SIZES + 1, THIN, DEPTHS + 1, ANY_SIZE + 1, UP + 2, SIZES + 2,
+    private static final int[] STEPS = {UP, DEPTHS, SIZES, UP + 1, SIZES + 1, DEPTHS + 1, THIN, ANY_SIZE + 1, UP + 2, SIZES + 2,
         DEPTHS + 2, ANY_SIZE + 2, UP + 3, SIZES + 3, DEPTHS + 3, ANY_SIZE + 3, UP + 4, SIZES + 4, DEPTHS + 4, ANY_SIZE + 4};
     private static final int SHORT_STEPS = 8;
     /** How many rows a table may have on the way up, and how much may be spent on joining them, for one size or any. */
@@ -423,13 +423,16 @@ public final class Formwarden {
                 long work = ways.clauses.work;
                 int made = i == 1 ? verdicts.leastSize(schema, other) : 0;
                 found = made > 0 ? Math.min(found, made) : found;
-                if (way == UP) {
+                if (way == UP && lower < MOST_SIZE) {
                     found = up(Cone.bit(first), Cone.bit(second), found, turn);
                 } else if (way == THIN && found == Prover.ENDLESS) {
                     found = upThinned(Cone.bit(first), Cone.bit(second));
                 } else if (way == ANY_SIZE && found == Prover.ENDLESS && !isThere) {
                     seeAnySize(Cone.bit(first), Cone.bit(second), turn);
-                } else if (way == DEPTHS && found == Prover.ENDLESS) {
+                } else if (way == DEPTHS && found == Prover.ENDLESS && !isThere) {
+                    if (turn > 0 && climb.isKept) {
+                        depths.stand(climb);
+                    }
                     depths.run(LOOKS[turn]);
                     found = depths.found;
                     isThere |= found < Prover.ENDLESS;
@@ -5014,6 +5017,15 @@ public final class Formwarden {
             return clauses.values[other(0)] > 0;
         }
 
+        /** Whether a part was found to be of all these and of none of those. */
+        boolean isSo(int part, long these, long those) {
+            boolean isSo = ((these | those) & ~around[part]) == 0;
+            for (int s = 0; s < book.count && isSo; s++) {
+                isSo = !Cone.holds(these | those, s) || clauses.values[ofPart(part, s)] == (Cone.holds(these, s) ? 1 : -1);
+            }
+            return isSo;
+        }
+
         /** The bits that a row at a place must have, or else those that it must not have, for a part of these and not of those. */
         long rowOf(Climb ground, int place, long these, long those, boolean has) {
             long row = 0;
@@ -5051,12 +5063,14 @@ public final class Formwarden {
         static final int ENDLESS = Clauses.ENDLESS;
         private static final int HUGE = ENDLESS / 2;
         private static final int LEAST_DEEP = 2;
-        private static final int MOST_FACTS = 20000;
+        private static final int MOST_FACTS = 80000;
+        private static final int MOST_FACTS_DEPTH = 20000;
         private static final int MOST_MADE = 5000;
         private static final int MOST_FRAMES = 2500;
         private static final int MOST_LEVELS = 1 << 12;
         private static final int MOST_STEPS = 100000000;
-        private static final int FULL = Clauses.MOST_WORDS / 4 * 3;
+        /** Up to how many words facts are told in clauses ahead, the last ones first; all others are told when they are missed. */
+        private static final int FULL = Clauses.MOST_WORDS / 2;
         private static final int GROWTH = 60000;
         /** How often it is tried again to tell less of what is too much, and how many of such tries stand within each other. */
         private static final int TRIES = 2;
@@ -5082,7 +5096,7 @@ public final class Formwarden {
         private final boolean isDepth;
         private long cone;
         /** For some schemas, and some others, what no deep part at some places counts less than that is of these and not of those. */
-        private final long[] facts = new long[FACT * MOST_FACTS];
+        private final long[] facts;
         private int factCount;
         /** How many facts have each bound. */
         private final int[] levels = new int[MOST_LEVELS];
@@ -5110,6 +5124,7 @@ public final class Formwarden {
             this.logic = logic;
             this.ways = ways;
             this.isDepth = isDepth;
+            facts = new long[FACT * (isDepth ? MOST_FACTS_DEPTH : MOST_FACTS)];
         }
 
         /** Forgets all that was learned and made, for schemas are not as they were. */
@@ -5134,10 +5149,11 @@ public final class Formwarden {
             }
             isStuck = false;
             // Facts that stand by each other can't be told without some of them.
-            boolean isFull = factCount > MOST_FACTS / 2 || madeCount > MOST_MADE / 2;
-            if ((cone & ~all) != 0 || isFull || ground != null) {
+            boolean isFull = 2 * FACT * factCount > facts.length || 2 * madeCount > MOST_MADE;
+            if ((cone & ~all) != 0 || isFull || (ground != null && !isDepth)) {
                 forget();
             }
+            ground = null;
             for (int i = 0; i < logic.singleCount && cone == 0; i++) {
                 note(logic.singles[i], -1L, 1, 1);
             }
@@ -5151,7 +5167,7 @@ public final class Formwarden {
         /** Takes over what another one knows to have no values. */
         void adopt(Prover other) {
             for (int i = 0; i < other.factCount; i++) {
-                boolean isNew = (int) other.facts[FACT * i + 2] >= ENDLESS && factCount < MOST_FACTS;
+                boolean isNew = (int) other.facts[FACT * i + 2] >= ENDLESS && FACT * factCount < facts.length;
                 for (int k = 0; k < factCount && isNew; k++) {
                     isNew = facts[FACT * k] != other.facts[FACT * i] || facts[FACT * k + 1] != other.facts[FACT * i + 1];
                 }
@@ -5194,12 +5210,10 @@ public final class Formwarden {
             for (int i = 0; i < MOST_STEPS && !isDone && !isStuck && ways.clauses.work < end; i++) {
                 if (ways.clauses.top >= limit) {
                     ways.build(cone, isDepth);
-                    for (int k = 0; k < factCount; k++) {
-                        long told = facts[FACT * k + 2];
-                        ways.tellCost(facts[FACT * k], facts[FACT * k + 1], (int) told, (int) (told >> WHERE));
+                    for (int k = factCount - 1; k >= 0 && ways.clauses.top < FULL; k--) {
+                        tell(FACT * k);
                     }
                     limit = Math.min(2 * ways.clauses.top + GROWTH, Clauses.MOST_WORDS / 8 * 7);
-                    isStuck = ways.clauses.top > FULL;
                 }
                 int frame = frames - 1;
                 long yes = asks[ASKS * frame];
@@ -5207,7 +5221,7 @@ public final class Formwarden {
                 int place = states[STATES * frame + PLACE];
                 int bound = boundOf(yes, no, place);
                 int known = leastMade(yes, no);
-                boolean isSettled = bound >= cap || (known >= 0 && counts[2 * known] <= bound);
+                boolean isSettled = bound >= cap || isEnough(known, bound);
                 if (frame == 0) {
                     lower = bound;
                     found = known < 0 ? ENDLESS : counts[2 * known + 1];
@@ -5259,7 +5273,7 @@ public final class Formwarden {
         /** Looks for a part at a place among the rows that were found on the way up; returns whether that told something new. */
         private boolean sees(long yes, long no, int place, int bound) {
             int told = ground == null || place >= PLACES ? 0 : ground.toldBelow(place);
-            if (bound >= told) {
+            if (isDepth ? told == 0 : bound >= told) {
                 return false;
             }
             Table rows = ground.rowsAt(place);
@@ -5274,7 +5288,8 @@ public final class Formwarden {
                     note(bits, bits | others, size, size);
                 }
             }
-            int least = Math.min(size, told);
+            // Rows tell nothing of how deep parts are.
+            int least = isDepth ? 0 : Math.min(size, told);
             if (least > bound) {
                 learnFromRows(yes, no, least, place);
             }
@@ -5320,6 +5335,11 @@ public final class Formwarden {
             return least;
         }
 
+        /** Whether a value that was made will do: where depth counts any one shows that there is one. */
+        private boolean isEnough(int known, int bound) {
+            return known >= 0 && (isDepth || counts[2 * known] <= bound);
+        }
+
         /**
          * Keeps what was found of the parts of a frame, and what they cost at least. If it is seen that this is too much,
          * though the clauses did not tell, they are told now.
@@ -5337,12 +5357,37 @@ public final class Formwarden {
                 total = isDepth ? Math.max(total, 1 + cost) : total + cost;
             }
             for (int i = 0; i < MOST_PARTS && total > bound; i++) {
-                int cost = states[STATES * frame + 1 + i];
                 states[STATES * frame] = NONE;
-                if (cost > LEAST_DEEP) {
-                    learn(asks[ASKS * frame + 2 + 2 * i], asks[ASKS * frame + 3 + 2 * i], cost, 1 << (ways.isList() ? IN_LIST : i));
+                remind(frame, i);
+            }
+        }
+
+        /** Tells the clauses what is known of what a part of a frame costs. */
+        private void remind(int frame, int part) {
+            int cost = states[STATES * frame + 1 + part];
+            int place = ways.isList() ? IN_LIST : part;
+            long yes = asks[ASKS * frame + 2 + 2 * part];
+            long no = asks[ASKS * frame + 3 + 2 * part];
+            for (int i = FACT * (factCount - 1); i >= 0 && cost > LEAST_DEEP; i -= FACT) {
+                boolean isSuch = (int) facts[i + 2] == cost && (facts[i + 2] >> WHERE + place & 1) == 1;
+                if (isSuch && ways.isSo(part, facts[i], facts[i + 1])) {
+                    tell(i);
+                    // What is missed is told ahead from now on.
+                    for (int k = 0; k < FACT; k++) {
+                        long other = facts[FACT * (factCount - 1) + k];
+                        facts[FACT * (factCount - 1) + k] = facts[i + k];
+                        facts[i + k] = other;
+                    }
+                    return;
                 }
             }
+            if (cost > LEAST_DEEP) {
+                ways.tellCost(yes, no, cost, 1 << place);
+            }
+        }
+
+        private void tell(int fact) {
+            ways.tellCost(facts[fact], facts[fact + 1], (int) facts[fact + 2], (int) (facts[fact + 2] >> WHERE));
         }
 
         /** Looks into the part that costs least of those that are not settled; if all are, a value is made of them. */
@@ -5361,7 +5406,7 @@ public final class Formwarden {
                     return;
                 }
                 int known = before == 0 ? NONE : leastMade(yes, no);
-                if (before > 0 && (known < 0 || counts[2 * known] > bound) && bound < least) {
+                if (before > 0 && !isEnough(known, bound) && bound < least) {
                     least = bound;
                     next = i;
                 }
@@ -5467,7 +5512,7 @@ public final class Formwarden {
                     return true;
                 }
                 int known = leastMade(yes, no);
-                if ((known < 0 || counts[2 * known] > bound) && !ways.isMet(yes, no, bound + 1, FEW_FAILS)) {
+                if (!isEnough(known, bound) && !ways.isMet(yes, no, bound + 1, FEW_FAILS)) {
                     narrow(bound + 1, nested);
                     return true;
                 }
@@ -5487,7 +5532,7 @@ public final class Formwarden {
                 kept += follows ? 0 : FACT;
             }
             factCount = kept / FACT;
-            isStuck |= factCount >= MOST_FACTS;
+            isStuck |= FACT * factCount >= facts.length;
             if (isStuck) {
                 return;
             }
@@ -5496,7 +5541,7 @@ public final class Formwarden {
             facts[kept + 2] = (long) places << WHERE | bound;
             factCount++;
             levels[Math.min(bound, MOST_LEVELS - 1)]++;
-            ways.tellCost(yes, no, bound, places);
+            tell(kept);
         }
 
         /**
@@ -5513,7 +5558,7 @@ public final class Formwarden {
                 if (bound > gap && bound < ENDLESS) {
                     levels[Math.min(bound, MOST_LEVELS - 1)]--;
                     facts[i + 2] = (long) EVERYWHERE << WHERE | ENDLESS;
-                    ways.tellCost(facts[i], facts[i + 1], ENDLESS, EVERYWHERE);
+                    tell(i);
                 }
             }
         }
