@@ -56,8 +56,8 @@ public final class Formwarden {
     private final Logic logic = new Logic(plain);
     private final Climb climb = new Climb(plain, logic);
     private final Ways ways = new Ways(plain, logic);
-    private final Prover depths = new Prover(plain, logic, ways, true);
-    private final Prover sizes = new Prover(plain, logic, ways, false);
+    private final Prover depths = new Prover(ways, true);
+    private final Prover sizes = new Prover(ways, false);
     private final int[] answers = new int[MOST_SCHEMAS * (MOST_SCHEMAS + 1)];
     private int edition = UNKNOWN;
     /** Of many hard questions the later ones get less time, so that a run comes to its end. */
@@ -3185,8 +3185,8 @@ public final class Formwarden {
 
         /** The first row, but for those of size 1, that has all these bits and none of those and is of a smaller size than this, or -1. */
         int firstOf(long has, long lacks, int below) {
-            int end = behind(below);
-            for (int i = behind(2); i < end; i++) {
+            int end = starts[Math.max(0, Math.min(below, top + 1))];
+            for (int i = starts[Math.max(0, Math.min(2, top + 1))]; i < end; i++) {
                 long row = room.words[chunks[i >> CHUNK_BITS] + (i & IN_CHUNK)];
                 if (((has & ~row) | (lacks & row)) == 0) {
                     return i;
@@ -4497,6 +4497,9 @@ public final class Formwarden {
         private static final int MOST_CODES = 2 * MOST_SCHEMAS + 2;
         private static final int MOST_STEPS = 10000000;
         private static final int NOT = 64;
+        static final int TELLERS = 4;
+        /** Above what a part costs stand the places where it does. */
+        static final int WHERE = 32;
 
         private final Schemas book;
         private final Logic logic;
@@ -4796,7 +4799,9 @@ public final class Formwarden {
         }
 
         /** Tells that a list or record, if it is deep and of all these and of none of those, costs so much as a part at some places. */
-        void tellCost(long yes, long no, int cost, int places) {
+        void tellCost(long yes, long no, long told) {
+            int cost = (int) told;
+            int places = (int) (told >> WHERE);
             boolean isInList = (places >> IN_LIST & 1) == 1;
             for (int i = 0; i < MOST_PARTS; i++) {
                 boolean isAtLabel = (places >> i & 1) == 1;
@@ -5026,30 +5031,24 @@ public final class Formwarden {
             return isSo;
         }
 
-        /** The bits that a row at a place must have, or else those that it must not have, for a part of these and not of those. */
-        long rowOf(Climb ground, int place, long these, long those, boolean has) {
-            long row = 0;
-            for (int i = 0; i < ground.itemsAt(place); i++) {
-                int item = ground.itemAt(place, i);
-                int code = codes[item];
-                boolean isPlain = (code & 1) == 0 == has;
-                boolean isAsked = code > Clauses.FAILS && Cone.holds(isPlain ? these : those, schemas[code >> 1]);
-                row |= isAsked && ground.tells(item, has) ? 1L << i : 0;
+        /**
+         * Tells for each place and each schema by which bits of a row it is seen that a part is of the schema: those that it
+         * has, and those that it lacks; and then both for not being of it.
+         */
+        void readRows(Climb ground, long[] tellers) {
+            Arrays.fill(tellers, 0);
+            for (int place = 0; place < PLACES; place++) {
+                for (int i = 0; i < ground.itemsAt(place); i++) {
+                    int item = ground.itemAt(place, i);
+                    int code = codes[item];
+                    if (code > Clauses.FAILS) {
+                        int at = TELLERS * (place * MOST_SCHEMAS + schemas[code >> 1]);
+                        int turn = code & 1;
+                        tellers[at + 2 * turn] |= ground.tells(item, true) ? 1L << i : 0;
+                        tellers[at + 3 - 2 * turn] |= ground.tells(item, false) ? 1L << i : 0;
+                    }
+                }
             }
-            return row;
-        }
-
-        /** The schemas that a part is of, or else those that it is not of, as far as a row at its place tells. */
-        long toldBy(Climb ground, int place, long row, boolean are) {
-            long those = 0;
-            for (int i = 0; i < ground.itemsAt(place); i++) {
-                int item = ground.itemAt(place, i);
-                int code = codes[item];
-                boolean has = (row >> i & 1) == 1;
-                boolean isTold = code > Clauses.FAILS && ground.tells(item, has) && ((code & 1) == 0 == has) == are;
-                those |= isTold ? Cone.bit(schemas[code >> 1]) : 0;
-            }
-            return those;
         }
     }
 
@@ -5085,13 +5084,11 @@ public final class Formwarden {
         private static final int IS_LIST = 1 << MOST_PARTS;
         /** Of a fact: of which and not of which schemas, and what it counts and for which places. */
         private static final int FACT = 3;
-        private static final int WHERE = 32;
+        private static final int WHERE = Ways.WHERE;
         /** Where the question itself stands, and all places with it. */
         private static final int ROOT = PLACES;
         private static final int EVERYWHERE = (2 << PLACES) - 1;
 
-        private final Schemas book;
-        private final Logic logic;
         private final Ways ways;
         private final boolean isDepth;
         private long cone;
@@ -5116,12 +5113,13 @@ public final class Formwarden {
         int found;
         /** Whether it can't come to its end. */
         boolean isStuck;
-        /** The rows of the parts that an answer of this question can have, or null. */
+        /** The rows of the parts that an answer of this question can have, or null; and what their bits tell (see Ways.readRows). */
         private Climb ground;
+        private final long[] tellers = new long[Ways.TELLERS * PLACES * MOST_SCHEMAS];
+        /** What was seen of the rows, to be learned: of all which, of none of which, and at which places. */
+        private final long[] shown = new long[3];
 
-        Prover(Schemas book, Logic logic, Ways ways, boolean isDepth) {
-            this.book = book;
-            this.logic = logic;
+        Prover(Ways ways, boolean isDepth) {
             this.ways = ways;
             this.isDepth = isDepth;
             facts = new long[FACT * (isDepth ? MOST_FACTS_DEPTH : MOST_FACTS)];
@@ -5143,8 +5141,8 @@ public final class Formwarden {
             long before = 0;
             for (int pass = 0; pass < MOST_SCHEMAS && all != before; pass++) {
                 before = all;
-                for (int s = 0; s < book.count; s++) {
-                    all |= Cone.holds(before, s) ? book.joined(s) | book.nested(s) : 0;
+                for (int s = 0; s < ways.book.count; s++) {
+                    all |= Cone.holds(before, s) ? ways.book.joined(s) | ways.book.nested(s) : 0;
                 }
             }
             isStuck = false;
@@ -5154,8 +5152,8 @@ public final class Formwarden {
                 forget();
             }
             ground = null;
-            for (int i = 0; i < logic.singleCount && cone == 0; i++) {
-                note(logic.singles[i], -1L, 1, 1);
+            for (int i = 0; i < ways.logic.singleCount && cone == 0; i++) {
+                note(ways.logic.singles[i], -1L, 1, 1);
             }
             cone = all;
             frames = 0;
@@ -5198,7 +5196,7 @@ public final class Formwarden {
             counts[2 * place] = count;
             counts[2 * place + 1] = size;
             madeCount = Math.max(madeCount, place + 1);
-            nextMade = place + 1 < MOST_MADE ? place + 1 : logic.singleCount;
+            nextMade = place + 1 < MOST_MADE ? place + 1 : ways.logic.singleCount;
         }
 
         /** Goes on until it is settled, or so much work was done. */
@@ -5210,8 +5208,11 @@ public final class Formwarden {
             for (int i = 0; i < MOST_STEPS && !isDone && !isStuck && ways.clauses.work < end; i++) {
                 if (ways.clauses.top >= limit) {
                     ways.build(cone, isDepth);
-                    for (int k = factCount - 1; k >= 0 && ways.clauses.top < FULL; k--) {
-                        tell(FACT * k);
+                    for (int k = FACT * (factCount - 1); k >= 0 && ways.clauses.top < FULL; k -= FACT) {
+                        ways.tellCost(facts[k], facts[k + 1], facts[k + 2]);
+                    }
+                    if (ground != null) {
+                        ways.readRows(ground, tellers);
                     }
                     limit = Math.min(2 * ways.clauses.top + GROWTH, Clauses.MOST_WORDS / 8 * 7);
                 }
@@ -5231,38 +5232,36 @@ public final class Formwarden {
                     frames -= frame == 0 ? 0 : 1;
                 } else if (states[STATES * frame] >= 0) {
                     goOn(frame);
-                } else if (!sees(yes, no, place, bound)) {
-                    look(frame, bound);
+                } else {
+                    int seen = sees(yes, no, place, bound);
+                    if (seen > 0) {
+                        learn(shown[0], shown[1], seen, (int) shown[2]);
+                    } else if (seen < 0 && ways.isMet(yes, no, bound + 1, MANY_FAILS)) {
+                        isStuck |= ways.isUnsure;
+                        ways.lift();
+                        keepNeeds(frame, bound);
+                    } else if (seen < 0) {
+                        narrow(bound + 1, 0);
+                        findEndless();
+                        frames -= frame == 0 ? 0 : 1;
+                    }
                 }
-            }
-        }
-
-        /** Looks for a way to be as a frame asks for that counts no more than a bound; if there is none, that is learned. */
-        private void look(int frame, int bound) {
-            if (ways.isMet(asks[ASKS * frame], asks[ASKS * frame + 1], bound + 1, MANY_FAILS)) {
-                isStuck |= ways.isUnsure;
-                ways.lift();
-                keepNeeds(frame, bound);
-            } else {
-                narrow(bound + 1, 0);
-                findEndless();
-                frames -= frame == 0 ? 0 : 1;
             }
         }
 
         /** What no value at a place counts less than that is of all these and of none of those; ENDLESS if there is none. */
         private int boundOf(long yes, long no, int place) {
-            if (logic.hasSingle(yes, no)) {
+            if (ways.logic.hasSingle(yes, no)) {
                 return 1;
             }
-            logic.yes = yes;
-            logic.no = no;
-            if (!logic.ease(logic.nevers[Logic.EITHER], logic.alwayses[Logic.EITHER])) {
+            ways.logic.yes = yes;
+            ways.logic.no = no;
+            if (!ways.logic.ease(ways.logic.nevers[Logic.EITHER], ways.logic.alwayses[Logic.EITHER])) {
                 return ENDLESS;
             }
             int bound = LEAST_DEEP;
             for (int i = 0; i < FACT * factCount; i += FACT) {
-                boolean holds = ((facts[i] & ~logic.yes) | (facts[i + 1] & ~logic.no)) == 0;
+                boolean holds = ((facts[i] & ~ways.logic.yes) | (facts[i + 1] & ~ways.logic.no)) == 0;
                 if (holds && (int) facts[i + 2] > bound && (facts[i + 2] >> WHERE + place & 1) == 1) {
                     bound = (int) facts[i + 2];
                 }
@@ -5270,57 +5269,71 @@ public final class Formwarden {
             return bound;
         }
 
-        /** Looks for a part at a place among the rows that were found on the way up; returns whether that told something new. */
-        private boolean sees(long yes, long no, int place, int bound) {
+        /**
+         * Looks for a part at a place among the rows that were found on the way up. Returns what it costs at least, if that
+         * is more than the bound: then it is shown of which parts that holds; 0 if a new one was found, and -1 otherwise.
+         */
+        private int sees(long must, long mustNot, int place, int bound) {
             int told = ground == null || place >= PLACES ? 0 : ground.toldBelow(place);
             if (isDepth ? told == 0 : bound >= told) {
-                return false;
+                return NONE;
             }
-            Table rows = ground.rowsAt(place);
-            int row = rows.firstOf(ways.rowOf(ground, place, yes, no, true), ways.rowOf(ground, place, yes, no, false), ENDLESS);
-            int size = row < 0 ? ENDLESS : rows.sizeOf(row);
-            boolean isFound = false;
-            if (row >= 0) {
-                long bits = ways.toldBy(ground, place, rows.rowAt(row), true);
-                long others = ways.toldBy(ground, place, rows.rowAt(row), false);
-                isFound = ((yes & ~bits) | (no & ~others)) == 0;
-                if (isFound) {
-                    note(bits, bits | others, size, size);
-                }
-            }
+            int row = firstRow(must, mustNot, ENDLESS, place);
+            int size = row < 0 ? ENDLESS : ground.rowsAt(place).sizeOf(row);
+            boolean isFound = row >= 0 && takes(must, mustNot, place, row, size);
             // Rows tell nothing of how deep parts are.
             int least = isDepth ? 0 : Math.min(size, told);
-            if (least > bound) {
-                learnFromRows(yes, no, least, place);
+            if (least <= bound) {
+                return isFound ? 0 : NONE;
             }
-            return isFound || least > bound;
-        }
-
-        /** Tells less of a part that is of no smaller size than this, as far as the rows allow, and keeps that. */
-        private void learnFromRows(long must, long mustNot, int least, int place) {
             long yes = must;
             long no = mustNot;
             for (int i = 0; i < 2 * MOST_SCHEMAS; i++) {
                 long bit = Cone.bit(i % MOST_SCHEMAS);
                 long lessYes = i < MOST_SCHEMAS ? yes & ~bit : yes;
                 long lessNo = i < MOST_SCHEMAS ? no : no & ~bit;
-                if ((lessYes != yes || lessNo != no) && isNoneBelow(lessYes, lessNo, least, place)) {
+                if ((lessYes != yes || lessNo != no) && firstRow(lessYes, lessNo, least, place) < 0) {
                     yes = lessYes;
                     no = lessNo;
                 }
             }
-            int places = 1 << place;
+            shown[0] = yes;
+            shown[1] = no;
+            shown[2] = 1 << place;
             for (int other = 0; other < PLACES; other++) {
-                places |= isNoneBelow(yes, no, least, other) ? 1 << other : 0;
+                boolean isTold = ground.toldBelow(other) >= least;
+                shown[2] |= isTold && firstRow(yes, no, least, other) < 0 ? 1 << other : 0;
             }
-            learn(yes, no, least, places);
+            return least;
         }
 
-        /** Whether it is known that no deep part at a place that is of all these and of none of those is smaller than this. */
-        private boolean isNoneBelow(long yes, long no, int size, int place) {
-            long has = ways.rowOf(ground, place, yes, no, true);
-            long lacks = ways.rowOf(ground, place, yes, no, false);
-            return ground.toldBelow(place) >= size && ground.rowsAt(place).firstOf(has, lacks, size) < 0;
+        /** The first row of a deep part at a place that is of all these and of none of those and smaller than this, or -1. */
+        private int firstRow(long yes, long no, int below, int place) {
+            long has = 0;
+            long lacks = 0;
+            for (int s = 0; s < ways.book.count; s++) {
+                int at = Ways.TELLERS * (place * MOST_SCHEMAS + s);
+                has |= -(yes >> s & 1) & tellers[at] | -(no >> s & 1) & tellers[at + 2];
+                lacks |= -(yes >> s & 1) & tellers[at + 1] | -(no >> s & 1) & tellers[at + 3];
+            }
+            return ground.rowsAt(place).firstOf(has, lacks, below);
+        }
+
+        /** Takes a row for a value that was made, if it tells that this is of all these and of none of those. */
+        private boolean takes(long must, long mustNot, int place, int row, int size) {
+            long bits = ground.rowsAt(place).rowAt(row);
+            long yes = 0;
+            long no = 0;
+            for (int s = 0; s < ways.book.count; s++) {
+                int at = Ways.TELLERS * (place * MOST_SCHEMAS + s);
+                yes |= ((bits & tellers[at]) | (~bits & tellers[at + 1])) != 0 ? Cone.bit(s) : 0;
+                no |= ((bits & tellers[at + 2]) | (~bits & tellers[at + 3])) != 0 ? Cone.bit(s) : 0;
+            }
+            if (((must & ~yes) | (mustNot & ~no)) != 0) {
+                return false;
+            }
+            note(yes, yes | no, size, size);
+            return true;
         }
 
         /** The value that counts least of those that were made and are of all these and of none of those, or -1. */
@@ -5371,7 +5384,7 @@ public final class Formwarden {
             for (int i = FACT * (factCount - 1); i >= 0 && cost > LEAST_DEEP; i -= FACT) {
                 boolean isSuch = (int) facts[i + 2] == cost && (facts[i + 2] >> WHERE + place & 1) == 1;
                 if (isSuch && ways.isSo(part, facts[i], facts[i + 1])) {
-                    tell(i);
+                    ways.tellCost(facts[i], facts[i + 1], facts[i + 2]);
                     // What is missed is told ahead from now on.
                     for (int k = 0; k < FACT; k++) {
                         long other = facts[FACT * (factCount - 1) + k];
@@ -5382,12 +5395,8 @@ public final class Formwarden {
                 }
             }
             if (cost > LEAST_DEEP) {
-                ways.tellCost(yes, no, cost, 1 << place);
+                ways.tellCost(yes, no, 1L << WHERE + place | cost);
             }
-        }
-
-        private void tell(int fact) {
-            ways.tellCost(facts[fact], facts[fact + 1], (int) facts[fact + 2], (int) (facts[fact + 2] >> WHERE));
         }
 
         /** Looks into the part that costs least of those that are not settled; if all are, a value is made of them. */
@@ -5429,9 +5438,9 @@ public final class Formwarden {
             int size = 1;
             boolean isKnown = true;
             long own = 0;
-            for (int s = 0; s < book.count; s++) {
-                boolean isKind = book.kinds[s] == (isList ? 'l' : 'o');
-                own |= isKind && ((book.needed(s) & ~there) | (book.barred(s) & there)) == 0 ? Cone.bit(s) : 0;
+            for (int s = 0; s < ways.book.count; s++) {
+                boolean isKind = ways.book.kinds[s] == (isList ? 'l' : 'o');
+                own |= isKind && ((ways.book.needed(s) & ~there) | (ways.book.barred(s) & there)) == 0 ? Cone.bit(s) : 0;
             }
             for (int i = 0; i < MOST_PARTS; i++) {
                 int part = (there >> i & 1) == 0 ? NONE : leastMade(asks[ASKS * frame + 2 + 2 * i], asks[ASKS * frame + 3 + 2 * i]);
@@ -5442,14 +5451,14 @@ public final class Formwarden {
                 count = isDepth ? Math.max(count, 1 + counts[2 * part]) : count + counts[2 * part];
                 size = Math.min(size + counts[2 * part + 1], MOST_SIZE);
                 isKnown &= made[2 * part + 1] == -1L;
-                for (int s = 0; s < book.count; s++) {
-                    int item = Cone.holds(own, s) ? book.below(s, i) : NONE;
+                for (int s = 0; s < ways.book.count; s++) {
+                    int item = Cone.holds(own, s) ? ways.book.below(s, i) : NONE;
                     own &= item < 0 || Cone.holds(made[2 * part], item) ? -1L : ~Cone.bit(s);
                 }
             }
             // If not all is known of the parts, it is what was asked for.
             long yes = asks[ASKS * frame];
-            note(isKnown ? logic.joinedUp(own) : yes, isKnown ? -1L : yes | asks[ASKS * frame + 1], count, size);
+            note(isKnown ? ways.logic.joinedUp(own) : yes, isKnown ? -1L : yes | asks[ASKS * frame + 1], count, size);
         }
 
         /**
@@ -5508,7 +5517,11 @@ public final class Formwarden {
                     learn(yes, no, ENDLESS, EVERYWHERE);
                     return true;
                 }
-                if (sees(yes, no, place < 0 ? i : place, bound)) {
+                int seen = sees(yes, no, place < 0 ? i : place, bound);
+                if (seen > 0) {
+                    learn(shown[0], shown[1], seen, (int) shown[2]);
+                }
+                if (seen >= 0) {
                     return true;
                 }
                 int known = leastMade(yes, no);
@@ -5541,7 +5554,7 @@ public final class Formwarden {
             facts[kept + 2] = (long) places << WHERE | bound;
             factCount++;
             levels[Math.min(bound, MOST_LEVELS - 1)]++;
-            tell(kept);
+            ways.tellCost(yes, no, facts[kept + 2]);
         }
 
         /**
@@ -5558,7 +5571,7 @@ public final class Formwarden {
                 if (bound > gap && bound < ENDLESS) {
                     levels[Math.min(bound, MOST_LEVELS - 1)]--;
                     facts[i + 2] = (long) EVERYWHERE << WHERE | ENDLESS;
-                    tell(i);
+                    ways.tellCost(facts[i], facts[i + 1], facts[i + 2]);
                 }
             }
         }
