@@ -67,6 +67,7 @@ public final class LanguageTest {
         face();
         classes();
         source(Files.readString(SOURCE));
+        Calls.look();
         Check.end("LanguageTest");
     }
 
