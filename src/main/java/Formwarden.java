@@ -25,9 +25,11 @@ public final class Formwarden {
     private static final int SIZES = 2 * TURNS;
     private static final int ANY_SIZE = 3 * TURNS;
     private static final int THIN = 4 * TURNS;
-    private static final int[] STEPS = {UP, DEPTHS, SIZES, UP + 1, SIZES + 1, DEPTHS + 1, THIN, ANY_SIZE + 1, UP + 2, SIZES + 2,
-        DEPTHS + 2, ANY_SIZE + 2, UP + 3, SIZES + 3, DEPTHS + 3, ANY_SIZE + 3, UP + 4, SIZES + 4, DEPTHS + 4, ANY_SIZE + 4};
-    private static final int SHORT_STEPS = 8;
+    private static final int ALONG = 5 * TURNS;
+    private static final int[] STEPS = {UP, DEPTHS, SIZES, ALONG, UP + 1, SIZES + 1, DEPTHS + 1, ALONG + 1, THIN, ANY_SIZE + 1,
+        ALONG + 2, UP + 2, SIZES + 2, DEPTHS + 2, ANY_SIZE + 2, UP + 3, SIZES + 3, DEPTHS + 3, ANY_SIZE + 3,
+        UP + 4, SIZES + 4, DEPTHS + 4, ANY_SIZE + 4};
+    private static final int SHORT_STEPS = 10;
     /** How many rows a table may have on the way up, and how much may be spent on joining them, for one size or any. */
     private static final int[] ROWS = {512, 1 << 20, 1 << 26, 1 << 26, 1 << 26};
     private static final long[] PAIRS = {3200000, 240000000, 6000000000L, 40000000000L, 400000000000L};
@@ -35,6 +37,8 @@ public final class Formwarden {
     private static final int MOST_ROWS_THIN = 8192;
     private static final int ROWS_OF_SIZE = 200;
     private static final long PAIRS_THIN = 80000000;
+    private static final int MOST_ROWS_ALONG = 1 << 20;
+    private static final long[] PAIRS_ALONG = {2000000, 100000000, 2000000000};
     /** How many clauses may be looked at on the way down. */
     private static final long[] LOOKS = {3000000, 30000000, 300000000, 3000000000L, 12000000000L};
     /** How much the turns that are not short may take in all, told in pairs of rows, and how much a look counts. */
@@ -427,6 +431,8 @@ public final class Formwarden {
                     found = up(Cone.bit(first), Cone.bit(second), found, turn);
                 } else if (way == THIN && found == Prover.ENDLESS) {
                     found = upThinned(Cone.bit(first), Cone.bit(second));
+                } else if (way == ALONG && found == Prover.ENDLESS && !isThere) {
+                    seeAlong(Cone.bit(first), Cone.bit(second), turn);
                 } else if (way == ANY_SIZE && found == Prover.ENDLESS && !isThere) {
                     seeAnySize(Cone.bit(first), Cone.bit(second), turn);
                 } else if (way == DEPTHS && found == Prover.ENDLESS && !isThere) {
@@ -452,10 +458,7 @@ public final class Formwarden {
                 found = isThere && lower >= MOST_SIZE ? MOST_SIZE : found;
                 isSure |= found <= lower;
             }
-            // Of what has no small value and very many kinds of great ones there most often is one.
-            boolean isGreat = !isSure && (isThere || lower >= MOST_SIZE);
-            found = found == Prover.ENDLESS && isGreat ? MOST_SIZE : found;
-            answers[place] = (found == Prover.ENDLESS ? 0 : found) | (isSure ? 0 : UNSURE);
+            keepAnswer(place, found);
         }
         int answer = answers[place] & ~UNSURE;
         if (answer == answers[place]) {
@@ -464,6 +467,13 @@ public final class Formwarden {
         // A value that was made since can tell more.
         int size = verdicts.leastSize(schema, other);
         return answer == 0 ? size : size == 0 ? answer : Math.min(answer, size);
+    }
+
+    private void keepAnswer(int place, int found) {
+        // Of what has no small value and very many kinds of great ones there most often is one.
+        boolean isGreat = !isSure && (isThere || lower >= MOST_SIZE);
+        int told = found < Prover.ENDLESS ? found : isGreat ? MOST_SIZE : 0;
+        answers[place] = told | (isSure ? 0 : UNSURE);
     }
 
     /** Gets ready for the schemas as they are. */
@@ -512,6 +522,15 @@ public final class Formwarden {
         climb.thinOut(ROWS_OF_SIZE);
         climb.ask(must, mustNot);
         return climb.find(Prover.ENDLESS);
+    }
+
+    /** Sees whether there is an answer among great values that are easily made. */
+    private void seeAlong(long must, long mustNot, int turn) {
+        climb.allow(MOST_ROWS_ALONG, PAIRS_ALONG[turn]);
+        climb.leaveSizes();
+        climb.ask(must, mustNot);
+        isThere = climb.findAlong(logic);
+        patience -= turn > 1 ? PAIRS_ALONG[turn] - climb.pairs : 0;
     }
 
     /** Sees on the way up whether there is an answer of any size at all. */
@@ -3543,6 +3562,8 @@ public final class Formwarden {
         /** From how many pairs on it is looked whether to count takes less time than to join them. */
         private static final int MANY = 1 << 18;
         private static final int RANGE = 4;
+        /** With how many of the first values others are put together, where great ones are made at once. */
+        private static final int FEW = 4;
 
         private final Cone cone;
         private final Demands demands;
@@ -3784,6 +3805,76 @@ public final class Formwarden {
             }
             largest = isNew ? size : largest;
             return isNew;
+        }
+
+        /**
+         * Whether there is an answer, as far as it is seen by values all parts of which are the same one, or that and one of
+         * the first few: these can be made one upon the other, so that very great ones are found soon.
+         */
+        boolean findAlong(Logic logic) {
+            Table all = tables[LEFT];
+            all.start(MOST_SCHEMAS, 0, 0);
+            for (int i = 0; i < logic.singleCount; i++) {
+                addAlong(logic.singles[i]);
+            }
+            int at = 0;
+            int next = 1;
+            for (int n = 0; n < MOST_ROUNDS && at < all.count && pairs > 0 && best == ENDLESS && !all.spilled; n++) {
+                int before = all.count;
+                for (int k = NONE; k < FEW && k < before; k++) {
+                    putTogether(all.keyAt(at), all.keyAt(k < 0 ? at : k));
+                }
+                // First it goes on from what came of it.
+                at = all.count > before ? before : next;
+                next += at == next ? 1 : 0;
+            }
+            return best < ENDLESS;
+        }
+
+        /** Takes in the lists and records that can be made of two values, each as often as there is a place. */
+        private void putTogether(long part, long other) {
+            int choices = part == other ? 1 : 2;
+            long row = cone.asPart(part);
+            for (int length = 1; length <= MOST_PARTS; length++) {
+                row &= length < choices ? -1L : cone.asPart(other);
+                room.lane[length - 1] = row & cone.taking(length);
+            }
+            int found = idle[PAIRS] && idle[JOINS + 1] ? 0 : room.sift(-1L, MOST_PARTS, Logic.LISTS);
+            pairs -= MOST_PARTS + PRICE * found;
+            for (int i = 0; i < found; i++) {
+                addAlong(cone.joinedUp(cone.ofLists(room.fresh[i])));
+            }
+            int count = 1;
+            room.lane[0] = -1L;
+            for (int label = 0; label < LABELS && !idle[RECORDS]; label++) {
+                long one = cone.keyOf(cone.atLabel(part, label), label);
+                long two = cone.keyOf(cone.atLabel(other, label), label);
+                for (int i = 0; i < count; i++) {
+                    long key = room.lane[i];
+                    room.lane[i] = key & cone.withoutLabel(label);
+                    room.lane[i + count] = key & one;
+                    room.lane[i + choices * count] = key & two;
+                }
+                count *= 1 + choices;
+            }
+            found = idle[RECORDS] ? 0 : room.sift(-1L, count, Logic.RECORDS);
+            pairs -= count + PRICE * found;
+            for (int i = 0; i < found; i++) {
+                addAlong(cone.joinedUp(cone.ofRecords(room.fresh[i])));
+            }
+        }
+
+        private void addAlong(long bits) {
+            if ((must & ~bits) == 0 && (mustNot & bits) == 0) {
+                best = MOST_SIZE;
+            }
+            boolean isPart = false;
+            for (int place = 0; place < PLACES; place++) {
+                isPart |= demands.serves(place, bits);
+            }
+            if (isPart) {
+                tables[LEFT].insert(bits);
+            }
         }
 
         /** Whether no value that is of some of these schemas, and no others of its kind, can be an answer or a part of one. */
