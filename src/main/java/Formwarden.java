@@ -4188,11 +4188,15 @@ public final class Formwarden {
         /** The sorts of clauses: those that must hold, and those that were learned; others are told by the part that costs. */
         static final int KEPT = -1;
         private static final int LEARNED = -2;
-        /** Of a clause: how many literals, its tag or what it costs, its sort, a link for each of the first two, the literals. */
-        static final int HEAD = 5;
+        /**
+         * Of a clause: how many literals, its tag or what it costs, its sort, a link for each of the first two literals, where
+         * another one to watch was found last, the literals.
+         */
+        static final int HEAD = 6;
         private static final int TAG = 1;
         private static final int SORT = 2;
         private static final int LINKS = 3;
+        private static final int AT = 5;
         static final int MOST_WORDS = 1 << 20;
         private static final int[] SIZES = {1 << 14, 1 << 17, MOST_WORDS};
         /** What is always left of the words, for what is learned next. */
@@ -4290,6 +4294,7 @@ public final class Formwarden {
             }
             words[ref + TAG] = toldTag;
             words[ref + SORT] = sort;
+            words[ref + AT] = 2;
             top += HEAD + length;
             for (int side = 0; side < 2 && length > 1; side++) {
                 int literal = words[ref + HEAD + side];
@@ -4426,9 +4431,18 @@ public final class Formwarden {
 
         /** Where a literal stands that does not fail and is not watched, or -1. */
         private int freeOf(int ref) {
-            int end = ref + HEAD + words[ref];
-            for (int i = ref + HEAD + 2; i < end; i++) {
+            int begin = ref + HEAD;
+            int end = begin + words[ref];
+            int from = begin + words[ref + AT];
+            for (int i = from; i < end; i++) {
                 if (values[words[i]] >= 0) {
+                    words[ref + AT] = i - begin;
+                    return i;
+                }
+            }
+            for (int i = begin + 2; i < from; i++) {
+                if (values[words[i]] >= 0) {
+                    words[ref + AT] = i - begin;
                     return i;
                 }
             }
@@ -4482,6 +4496,7 @@ public final class Formwarden {
                     break;
                 }
             }
+            words[made + AT] = 2;
             words[made + TAG] = sum;
             words[made + SORT] = LEARNED;
             top += HEAD + words[made];
@@ -4510,6 +4525,7 @@ public final class Formwarden {
             }
             at = Math.max(0, Math.min(at, count - 1));
             words[made + HEAD] = trail[at] ^ 1;
+            shorten(made);
             int back = 0;
             int place = 1;
             for (int i = 1; i < words[made]; i++) {
@@ -4525,6 +4541,23 @@ public final class Formwarden {
             goBack(back);
             close(tag, LEARNED);
             assign(words[made + HEAD], made);
+        }
+
+        /** Leaves out of a clause that is learned what follows from the other literals in it. */
+        private void shorten(int made) {
+            int kept = 1;
+            for (int i = 1; i < words[made]; i++) {
+                int literal = words[made + HEAD + i];
+                int reason = facts[FACTS * (literal >> 1) + REASON];
+                boolean follows = reason >= 0 && words[reason + TAG] + (words[reason + SORT] >= 0 ? 1 : 0) >= tag;
+                for (int k = 0; follows && k < words[reason]; k++) {
+                    int fact = FACTS * (words[reason + HEAD + k] >> 1);
+                    follows = facts[fact + SEEN] == clock || (facts[fact + LEVEL] == 0 && zeroTag >= tag);
+                }
+                words[made + HEAD + kept] = literal;
+                kept += follows ? 0 : 1;
+            }
+            words[made] = kept;
         }
 
         /** Looks at the literals of a clause; those of levels ahead come to what is learned. */
@@ -4637,7 +4670,7 @@ public final class Formwarden {
             gatherAround(cone);
             gatherSingles(cone);
             Arrays.fill(grounds, NONE);
-            int need = 310 * (width + 1) + 3 * width * width + MOST_PARTS * (singleCount * (7 * width + 15) + 7);
+            int need = 310 * (width + 1) + 3 * width * width + MOST_PARTS * (singleCount * (8 * width + 18) + 10);
             clauses.clear(1 + BLOCKS * width + THERE, isGreatest, need);
             clauses.open();
             for (int i = 0; i < MOST_PARTS; i++) {
@@ -5160,11 +5193,11 @@ public final class Formwarden {
         private static final int MOST_LEVELS = 1 << 12;
         private static final int MOST_STEPS = 100000000;
         /** Up to how many words facts are told in clauses ahead, the last ones first; all others are told when they are missed. */
-        private static final int FULL = Clauses.MOST_WORDS / 2;
+        private static final int FULL = Clauses.MOST_WORDS / 8;
         private static final int GROWTH = 60000;
         /** How often it is tried again to tell less of what is too much, and how many of such tries stand within each other. */
         private static final int TRIES = 2;
-        private static final int NESTED = 2;
+        private static final int NESTED = 1;
         private static final int FEW_FAILS = 1000;
         private static final int MANY_FAILS = 100000;
         private static final int RISE = 20;
