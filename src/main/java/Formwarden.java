@@ -436,9 +436,6 @@ public final class Formwarden {
                 } else if (way == ANY_SIZE && found == Prover.ENDLESS && !isThere) {
                     seeAnySize(Cone.bit(first), Cone.bit(second), turn);
                 } else if (way == DEPTHS && found == Prover.ENDLESS && !isThere) {
-                    if (turn > 0 && climb.isKept) {
-                        depths.stand(climb);
-                    }
                     depths.run(LOOKS[turn]);
                     found = depths.found;
                     isThere |= found < Prover.ENDLESS;
@@ -5188,7 +5185,7 @@ public final class Formwarden {
         private static final int LEAST_DEEP = 2;
         private static final int MOST_FACTS = 80000;
         private static final int MOST_FACTS_DEPTH = 20000;
-        private static final int MOST_MADE = 5000;
+        private static final int MOST_MADE = 10000;
         private static final int MOST_FRAMES = 2500;
         private static final int MOST_LEVELS = 1 << 12;
         private static final int MOST_STEPS = 100000000;
@@ -5272,7 +5269,7 @@ public final class Formwarden {
             isStuck = false;
             // Facts that stand by each other can't be told without some of them.
             boolean isFull = 2 * FACT * factCount > facts.length || 2 * madeCount > MOST_MADE;
-            if ((cone & ~all) != 0 || isFull || (ground != null && !isDepth)) {
+            if ((cone & ~all) != 0 || isFull || ground != null) {
                 forget();
             }
             ground = null;
@@ -5399,14 +5396,13 @@ public final class Formwarden {
          */
         private int sees(long must, long mustNot, int place, int bound) {
             int told = ground == null || place >= PLACES ? 0 : ground.toldBelow(place);
-            if (isDepth ? told == 0 : bound >= told) {
+            if (bound >= told) {
                 return NONE;
             }
             int row = firstRow(must, mustNot, ENDLESS, place);
             int size = row < 0 ? ENDLESS : ground.rowsAt(place).sizeOf(row);
             boolean isFound = row >= 0 && takes(must, mustNot, place, row, size);
-            // Rows tell nothing of how deep parts are.
-            int least = isDepth ? 0 : Math.min(size, told);
+            int least = Math.min(size, told);
             if (least <= bound) {
                 return isFound ? 0 : NONE;
             }
@@ -5597,6 +5593,9 @@ public final class Formwarden {
                 long lessYes = i < MOST_SCHEMAS ? yes & ~bit : yes;
                 long lessNo = i < MOST_SCHEMAS ? no : no & ~bit;
                 boolean goesOn = (lessYes | lessNo) != 0 && (lessYes != yes || lessNo != no);
+                // What was made shows at once that too little would be asked.
+                int known = goesOn ? leastMade(lessYes, lessNo) : NONE;
+                goesOn &= known < 0 || counts[2 * known] >= below;
                 for (int n = 0; n <= TRIES && goesOn; n++) {
                     if (!ways.isMet(lessYes, lessNo, below, FEW_FAILS)) {
                         yes = ways.coreYes;
