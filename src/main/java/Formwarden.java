@@ -4934,6 +4934,8 @@ public final class Formwarden {
                         clauses.add(Cone.holds(yes, s) ? ofPart(i, s) ^ 1 : Clauses.FAILS);
                         clauses.add(Cone.holds(no, s) ? ofPart(i, s) : Clauses.FAILS);
                     }
+                    // What costs is told by two literals at least, for it is them that are watched.
+                    clauses.add(other(THERE + i) ^ 1);
                     clauses.close(cost, cost >= Clauses.ENDLESS ? Clauses.KEPT : i);
                 }
             }
